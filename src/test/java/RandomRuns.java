@@ -1,0 +1,581 @@
+import java.lang.reflect.InvocationTargetException;
+import java.lang.reflect.Method;
+import java.util.ArrayList;
+import java.util.HashMap;
+import java.util.List;
+import java.util.Map;
+import java.util.Random;
+
+/**
+ * Random calls and programs on WindwardScheme and on PlainScheme; every answer must be the same. The seeds are fixed, so
+ * that each run is the same run. Arguments: how many objects, the first seed.
+ */
+public final class RandomRuns {
+    private static final Map<String, Method> METHODS = new HashMap<>();
+
+    private final Random random;
+    private final WindwardScheme tested = new WindwardScheme();
+    private final PlainScheme plain = new PlainScheme();
+    private final List<String> history = new ArrayList<>();
+    private int wrong;
+
+    private RandomRuns(long seed) {
+        random = new Random(seed);
+    }
+
+    public static void main(String[] args) throws Exception {
+        int objects = args.length > 0 ? Integer.parseInt(args[0]) : 1500;
+        long seed = args.length > 1 ? Long.parseLong(args[1]) : 1;
+        for (int i = 0; i < objects; i++) {
+            RandomRuns runs = new RandomRuns(seed + i);
+            runs.one(i % 4);
+            if (runs.wrong > 0) {
+                System.out.println("seed " + (seed + i) + ", kind " + i % 4);
+                for (String line : runs.history) System.out.println(line);
+                System.exit(1);
+            }
+        }
+        System.out.println("all random answers are as due");
+    }
+
+    private static Method method(Class<?> type, String name) {
+        return METHODS.computeIfAbsent(type.getName() + name, key -> {
+            for (Method m : type.getMethods()) if (m.getName().equals(name)) return m;
+            throw new IllegalArgumentException(name);
+        });
+    }
+
+    private static String answer(Object scheme, String name, Object... args) throws Exception {
+        try {
+            return String.valueOf(method(scheme.getClass(), name).invoke(scheme, args));
+        } catch (InvocationTargetException e) {
+            if (e.getCause() instanceof StackOverflowError) return "overflow";
+            return "throws." + e.getCause().getClass().getSimpleName();
+        }
+    }
+
+    private String call(String name, Object... args) throws Exception {
+        String got = answer(tested, name, args);
+        String due = answer(plain, name, args);
+        StringBuilder line = new StringBuilder(name).append("(");
+        for (Object arg : args) line.append(arg).append(" ");
+        line.append(") answered ").append(got);
+        if (!got.equals(due)) {
+            wrong++;
+            line.append(", due is ").append(due);
+        }
+        history.add(line.toString());
+        return got;
+    }
+
+    private void text() throws Exception {
+        StringBuilder written = new StringBuilder();
+        for (int i = 0; i <= 500; i++) {
+            String got = answer(tested, "charAt", i);
+            String due = answer(plain, "charAt", i);
+            if (!got.equals(due)) {
+                wrong++;
+                history.add("charAt(" + i + ") answered " + got + ", due is " + due + " behind " + written);
+                return;
+            }
+            if (got.length() > 1) break;
+            written.append(got);
+        }
+        history.add("text " + written);
+    }
+
+    private boolean chance(int percent) {
+        return random.nextInt(100) < percent;
+    }
+
+    private String pick(String... choices) {
+        return choices[random.nextInt(choices.length)];
+    }
+
+    // ---- laying
+
+    private int place;
+
+    /** Lays what is written in a text without any limit of length. */
+    private int lay(String written) throws Exception {
+        place = 0;
+        return layOne(written);
+    }
+
+    private int layOne(String written) throws Exception {
+        while (written.charAt(place) == ' ') place++;
+        char sign = written.charAt(place);
+        if (sign == '(') {
+            place++;
+            List<Integer> parts = new ArrayList<>();
+            int end = -1;
+            while (true) {
+                while (written.charAt(place) == ' ') place++;
+                if (written.charAt(place) == ')') break;
+                if (written.startsWith(". ", place)) {
+                    place += 2;
+                    if (written.charAt(place) != ')') end = layOne(written);
+                } else {
+                    parts.add(layOne(written));
+                }
+            }
+            place++;
+            int list = end >= 0 ? end : laid(call("empty"));
+            for (int i = parts.size() - 1; i >= 0; i--) list = laid(call("pair", parts.get(i), list));
+            return list;
+        }
+        int start = place;
+        while (place < written.length() && " ()".indexOf(written.charAt(place)) < 0) place++;
+        String atom = written.substring(start, place);
+        String made;
+        if (atom.equals("#t")) made = call("truth", true);
+        else if (atom.equals("#f")) made = call("truth", false);
+        else if (atom.startsWith("s")) made = call("symbol", Integer.parseInt(atom.substring(1)));
+        else if (atom.contains("/")) {
+            String[] both = atom.split("/");
+            made = call("number", Integer.parseInt(both[0]), Integer.parseInt(both[1]));
+        } else made = call("number", Integer.parseInt(atom), 1);
+        return laid(made);
+    }
+
+    private static int laid(String made) {
+        if (made.startsWith("throws")) throw new TooMuch();
+        return Integer.parseInt(made);
+    }
+
+    private static final class TooMuch extends RuntimeException {
+        private static final long serialVersionUID = 1L;
+    }
+
+    private void one(int kind) throws Exception {
+        try {
+            int programs = 4 + random.nextInt(20);
+            if (kind == 1) lay1("(define-syntax s50 (s51) ((s50) 1) ((s50 s51 s30) (s10 s30 1)) "
+                    + "((s50 s30 s31 s7) ((lambda (s32) (if s32 s32 (s50 s31 s7))) s30)))");
+            if (kind < 2) {
+                lay1("(define s30 1)");
+                lay1("(define s31 (lambda (s41 . s47) s41))");
+                lay1("(define s32 (quote (1 (2 3) . 4)))");
+                lay1("(define s33 (lambda (s41) (s29 s41)))");
+                lay1("(define s34 (lambda s47 s47))");
+                lay1("(define s35 (lambda (s41) s41))");
+                lay1("(define s36 (lambda (s41) s41))");
+                lay1("(define s40 (quote ()))");
+            }
+            for (int i = 0; i < programs && wrong == 0; i++) {
+                if (kind == 2) macroProgram();
+                else if (kind == 3) readings();
+                else program(kind == 1);
+            }
+        } catch (TooMuch e) {
+            history.add("too much");
+        }
+        if (wrong == 0) counts();
+    }
+
+    private static String words(String program) {
+        return program.replace("define-syntax", "s6").replace("define", "s3").replace("lambda", "s2")
+                .replace("quote", "s0").replace("if", "s1").replace("set", "s4").replace("begin", "s5");
+    }
+
+    private void lay1(String program) throws Exception {
+        history.add(program);
+        int datum = lay(words(program));
+        call("begin", datum);
+        call("run", 5);
+    }
+
+    private void counts() throws Exception {
+        for (String name : new String[] {"applications", "expansions", "entered", "left", "jumps", "valueShare",
+            "meanApplications", "isSound", "data"}) call(name);
+    }
+
+    private void runProgram(String program) throws Exception {
+        history.add(program);
+        int datum = lay(words(program));
+        if (chance(30)) {
+            call("writeExpanded", datum);
+            text();
+        }
+        String state = call("begin", datum);
+        int runs = 1 + random.nextInt(6);
+        for (int i = 0; i < runs && state.equals("r") && wrong == 0; i++) {
+            state = call("run", chance(50) ? 1 + random.nextInt(9) : 1 + random.nextInt(500));
+            call("winds");
+            call("handlers");
+            if (chance(20)) call("isSound");
+        }
+        call("state");
+        call("error");
+        call("valueKind");
+        call("valueAmount");
+        call("writeValue");
+        text();
+        if (chance(30)) {
+            int symbol = random.nextInt(60);
+            call("meaning", symbol);
+            call("writeGlobal", symbol);
+            text();
+        }
+        if (chance(20)) counts();
+    }
+
+    // ---- programs
+
+    private void program(boolean hasMacros) throws Exception {
+        List<String> bound = new ArrayList<>();
+        if (chance(10)) {
+            runProgram("(define " + global() + " " + expression(4, bound, hasMacros) + ")");
+        } else if (chance(15)) {
+            runProgram("(define s40 (quote ()))");
+        } else if (hasMacros && chance(20)) {
+            runProgram("(define-syntax s5" + random.nextInt(3) + " (s51) ((s50 s30 . s31) (" + pick("begin", "s10", "s50")
+                    + " " + expression(2, List.of("s30", "s32"), true) + " s30 (s16 s30 (quote s31)))))");
+        } else {
+            runProgram(expression(3 + random.nextInt(4), bound, hasMacros));
+        }
+    }
+
+    private String global() {
+        return "s" + (30 + random.nextInt(7));
+    }
+
+    private String name() {
+        return "s" + (41 + random.nextInt(5));
+    }
+
+    private String log() {
+        return "(set s40 (s16 " + random.nextInt(10) + " s40))";
+    }
+
+    private String number() {
+        switch (random.nextInt(8)) {
+            case 0:
+                return "0";
+            case 1:
+                return "-" + (1 + random.nextInt(9)) + "/" + (1 + random.nextInt(5));
+            case 2:
+                return "1000000000";
+            default:
+                return String.valueOf(random.nextInt(6));
+        }
+    }
+
+    private String datum(int depth) {
+        if (depth == 0 || chance(40)) return pick("1", "2/3", "#t", "#f", "()", "s40", "s1", "s55");
+        StringBuilder list = new StringBuilder("(");
+        int count = 1 + random.nextInt(3);
+        for (int i = 0; i < count; i++) list.append(datum(depth - 1)).append(" ");
+        if (chance(30)) list.append(". ").append(datum(0));
+        return list.append(")").toString();
+    }
+
+    private String lambda(int depth, List<String> bound, boolean hasMacros, int parameters) {
+        List<String> inner = new ArrayList<>(bound);
+        StringBuilder list = new StringBuilder();
+        List<String> names = new ArrayList<>();
+        for (int i = 0; i < parameters; i++) {
+            String name = name();
+            while (names.contains(name) && !chance(3)) name = name();
+            names.add(name);
+            list.append(name).append(" ");
+            inner.add(name);
+        }
+        if (chance(10)) {
+            String rest = "s47";
+            inner.add(rest);
+            list = new StringBuilder(parameters == 0 ? rest : "(" + list + ". " + rest + ")");
+        } else {
+            list = new StringBuilder("(" + list + ")");
+        }
+        String body = expression(depth - 1, inner, hasMacros);
+        if (chance(35)) body = log() + " " + body;
+        return "(lambda " + list + " " + body + ")";
+    }
+
+    private String variable(List<String> bound) {
+        return bound.isEmpty() || chance(25) ? global() : bound.get(random.nextInt(bound.size()));
+    }
+
+    private String expression(int depth, List<String> bound, boolean hasMacros) {
+        if (depth <= 0) {
+            return chance(40) ? number() : chance(75) ? variable(bound) : "(quote " + datum(2) + ")";
+        }
+        int d = depth - 1;
+        if (bound.contains("s46") && chance(15)) return "(s46 " + expression(d, bound, hasMacros) + ")";
+        switch (random.nextInt(27)) {
+            case 0:
+                return number();
+            case 1:
+            case 2:
+                return variable(bound);
+            case 3:
+                return "(if " + expression(d, bound, hasMacros) + " " + expression(d, bound, hasMacros)
+                        + (chance(80) ? " " + expression(d, bound, hasMacros) : "") + ")";
+            case 4:
+                return lambda(depth, bound, hasMacros, random.nextInt(3));
+            case 5:
+            case 6: {
+                int count = random.nextInt(3);
+                StringBuilder call = new StringBuilder("(" + lambda(depth, bound, hasMacros, count));
+                for (int i = 0; i < count || chance(4); i++) call.append(" ").append(expression(d, bound, hasMacros));
+                return call + ")";
+            }
+            case 7:
+            case 8:
+                return "(s" + (10 + random.nextInt(6)) + " " + (chance(70) ? number() : expression(d, bound, hasMacros)) + " "
+                        + (chance(50) ? number() : expression(d, bound, hasMacros)) + ")";
+            case 9:
+                return "(" + pick("s16", "s21") + " " + expression(d, bound, hasMacros) + " "
+                        + expression(d, bound, hasMacros) + ")";
+            case 10:
+                return "(" + pick("s17", "s18", "s19", "s20", "s25", "s25", "s19") + " "
+                        + (chance(50) ? "s32" : expression(d, bound, hasMacros)) + ")";
+            case 11:
+            case 12:
+            case 13: {
+                List<String> inner = new ArrayList<>(bound);
+                inner.add("s46");
+                String body = expression(d, inner, hasMacros);
+                if (chance(50)) body = "(set " + pick("s35", "s36") + " s46) " + body;
+                return "(s22 (lambda (s46) " + body + "))";
+            }
+            case 14:
+            case 15:
+            case 16:
+                return "(s23 " + thunk(d, bound, hasMacros) + " " + thunk(d, bound, hasMacros) + " "
+                        + thunk(d, bound, hasMacros) + ")";
+            case 17:
+            case 18:
+                return "(s26 " + thunk(d, bound, hasMacros) + " " + lambda(d, bound, hasMacros, 1) + ")";
+            case 19:
+                return "(s27 " + expression(d, bound, hasMacros) + ")";
+            case 20:
+            case 21:
+                return "(s28 " + lambda(d, bound, hasMacros, 1) + " " + thunk(d, bound, hasMacros) + ")";
+            case 22:
+                return "(s29 " + expression(d, bound, hasMacros) + ")";
+            case 23:
+                return "(begin " + expression(d, bound, hasMacros) + " " + expression(d, bound, hasMacros) + ")";
+            case 24:
+                return "(set " + variable(bound) + " " + expression(d, bound, hasMacros) + ")";
+            case 25:
+                return "(" + (chance(90) ? pick("s31", "s33", "s34", "s35", "s36", "s35", "s36") : variable(bound)) + " "
+                        + expression(d, bound, hasMacros) + ")";
+            default:
+                if (hasMacros) {
+                    return "(s5" + random.nextInt(3) + " " + (chance(20) ? "s51 " : "") + expression(d, bound, true) + " "
+                            + expression(d, bound, true) + ")";
+                }
+                return "(s24 " + expression(d, bound, false) + " (quote " + datum(2) + "))";
+        }
+    }
+
+    private String thunk(int depth, List<String> bound, boolean hasMacros) {
+        return "(lambda () " + log() + " " + expression(depth, bound, hasMacros) + ")";
+    }
+
+    // ---- macros
+
+    private final List<String> variables = new ArrayList<>();
+
+    private String pattern(int depth) {
+        int choice = random.nextInt(depth <= 0 ? 6 : 10);
+        switch (choice) {
+            case 0:
+            case 1:
+            case 2: {
+                String name = "s" + (30 + random.nextInt(9));
+                if (variables.contains(name) && !chance(4)) return "s8";
+                variables.add(name);
+                return name;
+            }
+            case 3:
+                return pick("s8", "s51", "s52");
+            case 4:
+                return pick("1", "#t", "()", "2/3", chance(5) ? "s7" : "s8");
+            case 5:
+                return pick("s51", "s8");
+            default: {
+                StringBuilder list = new StringBuilder("(");
+                int count = 1 + random.nextInt(3);
+                for (int i = 0; i < count; i++) list.append(pattern(depth - 1)).append(" ");
+                if (chance(50)) list.append("s7 ");
+                else if (chance(20)) list.append(". ").append(pattern(0));
+                return list.append(")").toString();
+            }
+        }
+    }
+
+    private String template(int depth) {
+        if (depth <= 0 || chance(25)) {
+            if (!variables.isEmpty() && chance(75)) return variables.get(random.nextInt(variables.size()));
+            return pick("1", "#t", "s40", "s8", chance(5) ? "s7" : "s41", "s0", "()");
+        }
+        StringBuilder list = new StringBuilder("(");
+        int count = 1 + random.nextInt(3);
+        for (int i = 0; i < count; i++) {
+            list.append(template(depth - 1)).append(" ");
+            if (chance(40)) list.append("s7 ");
+            if (chance(3)) list.append("s7 ");
+        }
+        if (chance(15)) list.append(". ").append(template(0));
+        return list.append(")").toString();
+    }
+
+    /** A form that the pattern matches, most often. */
+    private String use(String pattern) {
+        StringBuilder form = new StringBuilder();
+        int[] at = {0};
+        fit(pattern, at, form);
+        return form.toString();
+    }
+
+    private void fit(String pattern, int[] at, StringBuilder form) {
+        while (pattern.charAt(at[0]) == ' ') at[0]++;
+        if (pattern.charAt(at[0]) != '(') {
+            int start = at[0];
+            while (at[0] < pattern.length() && " ()".indexOf(pattern.charAt(at[0])) < 0) at[0]++;
+            String atom = pattern.substring(start, at[0]);
+            boolean isFree = atom.startsWith("s3") || atom.equals("s8");
+            form.append(isFree ? datum(chance(30) ? 2 : 0) : chance(96) ? atom : "s33");
+            return;
+        }
+        at[0]++;
+        form.append("(");
+        int start = at[0];
+        while (true) {
+            while (pattern.charAt(at[0]) == ' ') at[0]++;
+            if (pattern.charAt(at[0]) == ')') break;
+            if (pattern.startsWith(". ", at[0])) {
+                at[0] += 2;
+                if (chance(80)) form.append(". ");
+            }
+            if (pattern.startsWith("s7", at[0])) {
+                at[0] += 2;
+                continue;
+            }
+            int begin = at[0];
+            StringBuilder part = new StringBuilder();
+            fit(pattern, at, part);
+            while (pattern.charAt(at[0]) == ' ') at[0]++;
+            if (!pattern.startsWith("s7", at[0])) {
+                form.append(part).append(" ");
+                continue;
+            }
+            int end = at[0];
+            int count = random.nextInt(4);
+            for (int i = 0; i < count; i++) {
+                at[0] = begin;
+                fit(pattern, at, form);
+                form.append(" ");
+            }
+            at[0] = end;
+        }
+        if (at[0] == start && chance(3)) form.append("1");
+        at[0]++;
+        form.append(")");
+    }
+
+    private void macroProgram() throws Exception {
+        StringBuilder definition = new StringBuilder("(define-syntax s50 (s51" + (chance(20) ? " s52" : "") + ")");
+        List<String> patterns = new ArrayList<>();
+        int rules = 1 + random.nextInt(3);
+        for (int i = 0; i < rules; i++) {
+            variables.clear();
+            String pattern = "(s8 " + pattern(3) + (chance(40) ? " s7" : chance(40) ? " " + pattern(2) : "") + ")";
+            patterns.add(pattern);
+            String template = template(4);
+            if (chance(75)) template = "(quote " + template + ")";
+            else if (chance(30)) template = "(s55 " + template + ")";
+            definition.append(" (").append(pattern).append(" ").append(template).append(")");
+        }
+        runProgram(definition + ")");
+        if (chance(30)) {
+            runProgram("(define-syntax s55 () ((s8 s30) " + pick("s30", "(quote s30)", "((lambda (s41 s30) s41) (quote s30) 1)",
+                    "(s50 s30)", "(s50 . s30)", "(quote (s30 s41 s30))", "(s21 (quote s30) (quote s30))",
+                    "((lambda (s41) (s21 (s17 s41) (s17 (s18 s41)))) (quote (s30 s30)))") + "))");
+        }
+        for (int i = 0; i < 6 && wrong == 0; i++) {
+            String use = use(patterns.get(random.nextInt(patterns.size())));
+            int blank = use.indexOf(' ');
+            String form = blank < 0 ? "(s50)" : "(s50" + use.substring(blank);
+            if (chance(20)) form = "((lambda (s5" + random.nextInt(3) + ") " + form + ") 1)";
+            if (chance(10)) form = "(s55 " + form + ")";
+            runProgram(form);
+        }
+    }
+
+    // ---- readings
+
+    private void readings() throws Exception {
+        call("clear");
+        StringBuilder written = new StringBuilder();
+        int count = 1 + random.nextInt(chance(20) ? 200 : 12);
+        int open = 0;
+        for (int i = 0; i < count; i++) {
+            switch (random.nextInt(14)) {
+                case 0:
+                case 1:
+                case 2:
+                    written.append("(");
+                    open++;
+                    break;
+                case 3:
+                case 4:
+                    if (open > 0 || chance(10)) {
+                        written.append(")");
+                        open--;
+                    }
+                    break;
+                case 5:
+                    written.append(open > 0 ? " . " : " ");
+                    break;
+                case 6:
+                    written.append(pick("#t", "#f", "#", "#x", " ", "-", "/", ".")).append(chance(80) ? " " : "");
+                    break;
+                case 7:
+                    written.append("s").append(random.nextInt(chance(90) ? 60 : 100)).append(" ");
+                    break;
+                case 8:
+                    written.append(pick("00012", "-0", "000000000000000001", "0000000000000000001", "1/0", "6/4", "-6/-4",
+                            "1000000000", "1000000001", "2000000002/2", "2000000000/2", "-1000000000/999999999",
+                            "999999999999999999/999999999999999999", "s059", "s000000000000000007")).append(" ");
+                    break;
+                default:
+                    written.append(random.nextInt(20)).append(chance(90) ? " " : "");
+            }
+        }
+        while (open-- > 0 && !chance(5)) written.append(")");
+        if (chance(10)) {
+            String end = "1";
+            int levels = 56 + random.nextInt(8);
+            for (int i = 0; i < levels; i++) end = (chance(50) && end.length() < 300 ? "(2 " : "(") + end + ")";
+            written = new StringBuilder(end);
+        } else if (chance(5)) {
+            String end = "()";
+            int levels = 70 + random.nextInt(12);
+            for (int i = 0; i < levels; i++) end = "(1 . " + end + ")";
+            written = new StringBuilder(end);
+        }
+        for (int i = 0; i < written.length() && i < 501; i++) call("type", written.charAt(i));
+        int before = Integer.parseInt(call("data"));
+        String made = call("read");
+        int after = Integer.parseInt(call("data"));
+        for (int i = before; i < after; i++) {
+            call("kind", i);
+            call("part", i, true);
+            call("part", i, false);
+            call("amount", i);
+            call("asDouble", i);
+        }
+        if (!made.startsWith("throws")) {
+            int datum = Integer.parseInt(made);
+            call("write", datum);
+            text();
+            call("areAlike", datum, random.nextInt(after + 2) - 1);
+            call("read");
+            call("areAlike", datum, Integer.parseInt(call("data")) - 1);
+        }
+    }
+}
