@@ -136,7 +136,7 @@ public final class WindwardScheme {
     // The heap.
     private static final int CHUNK_BITS = 10;
     private static final int CHUNK_CELLS = 1024;
-    private static final int MAX_CHUNKS = 1400;
+    private static final int MAX_CHUNKS = 1700;
     private static final int MAX_CELLS = MAX_CHUNKS * CHUNK_CELLS;
     private static final int KIND_MASK = 63;
     private static final int MARKED = 64;
@@ -156,12 +156,14 @@ public final class WindwardScheme {
 
     public WindwardScheme() {
         Heap heap = new Heap();
-        store = new Store(heap);
+        Store laid = new Store(heap);
+        Counts counted = new Counts();
+        store = laid;
+        counts = counted;
         writer = new Writer(heap);
         reader = new Reader();
-        expander = new Expander(heap, store);
-        counts = new Counts();
-        machine = new Machine(heap, store, counts);
+        expander = new Expander(heap, laid);
+        machine = new Machine(heap, laid, counted);
     }
 
     // ---- data
@@ -229,7 +231,7 @@ public final class WindwardScheme {
     public boolean areAlike(int datum, int other) throws IndexOutOfBoundsException {
         needDatum(datum);
         needDatum(other);
-        return store.haveOneShape(store.cellOf(datum), store.cellOf(other), 0);
+        return store.areShapedAlike(store.cellOf(datum), store.cellOf(other));
     }
 
     // ---- text
@@ -453,7 +455,7 @@ public final class WindwardScheme {
 
     /** A row of numbers; outside of it there are zeros. */
     private static final class Row {
-        private final int[] words;
+        final int[] words;
 
         Row(int length) {
             words = new int[length < 0 ? 0 : length];
@@ -483,6 +485,7 @@ public final class WindwardScheme {
         private int free;
         private int made;
         private int due;
+        private int live;
         private int gray;
 
         Heap() {
@@ -562,19 +565,23 @@ public final class WindwardScheme {
             put(cell, HEAD, at(cell, HEAD) & (1 << LINK_SHIFT) - 1 | note << LINK_SHIFT);
         }
 
-        void addRoots(Row row) {
-            if (rootCount < roots.length) {
+        /** A new row of cells that stay as long as they stand in it. */
+        Row newRoots(int length) {
+            Row row = new Row(length);
+            if (rootCount >= 0 && rootCount < roots.length) {
                 roots[rootCount] = row;
                 rootCount++;
             }
+            return row;
         }
 
         boolean isDue() {
             return made >= due;
         }
 
+        /** Whether so much is in use that just the reserve is left, which is for data and expansions. */
         boolean isFull() {
-            return free == 0 && fresh >= MAX_CELLS;
+            return live > MAX_CELLS - RESERVE;
         }
 
         void collect() {
@@ -611,7 +618,7 @@ public final class WindwardScheme {
         }
 
         private void sweep() {
-            int live = 0;
+            live = 0;
             free = 0;
             for (int cell = fresh - 1; cell > 0; cell--) {
                 int head = at(cell, HEAD);
@@ -636,7 +643,7 @@ public final class WindwardScheme {
         private final int[] cells;
         private final int[] firsts;
         private final int[] rests;
-        private int count;
+        int count;
         private final int[] meanings;
         private final Row contents;
 
@@ -646,8 +653,7 @@ public final class WindwardScheme {
             firsts = new int[MAX_DATA];
             rests = new int[MAX_DATA];
             meanings = new int[SYMBOLS];
-            contents = new Row(SYMBOLS);
-            heap.addRoots(contents);
+            contents = heap.newRoots(SYMBOLS);
             for (int symbol = 0; symbol < SYMBOLS; symbol++) {
                 heap.keep(heap.make(SYMBOL, symbol, 0, 0));
             }
@@ -806,7 +812,7 @@ public final class WindwardScheme {
             return heap.make(NUMBER, (int) top, (int) bottom, 0);
         }
 
-        private int measureOf(int cell) {
+        int measureOf(int cell) {
             switch (heap.kindOf(cell)) {
                 case PAIR:
                     return heap.at(cell, MEASURE);
@@ -889,6 +895,10 @@ public final class WindwardScheme {
                     && heap.at(cell, DENOMINATOR) == heap.at(other, DENOMINATOR);
         }
 
+        boolean areShapedAlike(int cell, int other) {
+            return haveOneShape(cell, other, 0);
+        }
+
         private boolean haveOneShape(int cell, int other, int level) {
             int a = cell;
             int b = other;
@@ -938,7 +948,7 @@ public final class WindwardScheme {
 
         private final Heap heap;
         private final char[] text;
-        private int length;
+        int length;
         private final char[] draft;
         private int drafted;
         private final Row jobs;
@@ -1212,7 +1222,7 @@ public final class WindwardScheme {
         private final long[] tops;
         private final long[] bottoms;
         private int pieceCount;
-        private int needed;
+        int needed;
         // The lists that are open: how far each one is, the depth of its parts, where its parts begin.
         private final Row stages;
         private final Row depths;
@@ -1440,7 +1450,7 @@ public final class WindwardScheme {
         private final Store store;
         private long literals;
         private int scope;
-        private int matches;
+        int matches;
 
         Patterns(Heap heap, Store store) {
             this.heap = heap;
@@ -1747,7 +1757,7 @@ public final class WindwardScheme {
         private final Row tails;
         private final Row outcomes;
         private int level;
-        private int used;
+        int used;
         private int variables;
 
         Expander(Heap heap, Store store) {
@@ -1755,14 +1765,10 @@ public final class WindwardScheme {
             this.store = store;
             patterns = new Patterns(heap, store);
             templates = new Templates(heap, store);
-            lists = new Row(LEVELS);
-            scopes = new Row(LEVELS);
-            tails = new Row(LEVELS);
-            outcomes = new Row(LEVELS);
-            heap.addRoots(lists);
-            heap.addRoots(scopes);
-            heap.addRoots(tails);
-            heap.addRoots(outcomes);
+            lists = heap.newRoots(LEVELS);
+            scopes = heap.newRoots(LEVELS);
+            tails = heap.newRoots(LEVELS);
+            outcomes = heap.newRoots(LEVELS);
         }
 
         /** The code of a program; 0 if it is wrong. Then used tells how many expansions of macros there were. */
@@ -1983,16 +1989,16 @@ public final class WindwardScheme {
 
     /** What has happened in all runs. */
     private static final class Counts {
-        private long applications;
-        private long applicationsOfRun;
-        private long applicationsOfEnded;
-        private int expansions;
-        private int entered;
-        private int left;
-        private int jumps;
-        private int ended;
-        private int endedWithValue;
-        private int abandoned; // winds that were entered when a run ended with an error or another one was begun
+        long applications;
+        long applicationsOfRun;
+        long applicationsOfEnded;
+        int expansions;
+        int entered;
+        int left;
+        int jumps;
+        int ended;
+        int endedWithValue;
+        int abandoned; // winds that were entered when a run ended with an error or another one was begun
     }
 
     /** The primitives that come to a value at once. An answer below 0 is an error: minus its letter. */
@@ -2077,13 +2083,13 @@ public final class WindwardScheme {
         private final Primitives primitives;
         private final Counts counts;
         private final Row saved;
-        private char status; // 0 ahead of the first program
-        private char letter;
+        char status; // 0 ahead of the first program
+        char letter;
         private int fuel;
         private int mode;
         private int code;
         private int environment;
-        private int value;
+        int value;
         private int frames;
         private int procedure;
         private int operands; // from the last one to the first one
@@ -2096,8 +2102,7 @@ public final class WindwardScheme {
             this.store = store;
             this.counts = counts;
             primitives = new Primitives(heap, store);
-            saved = new Row(REGISTERS);
-            heap.addRoots(saved);
+            saved = heap.newRoots(REGISTERS);
         }
 
         boolean isBegun() {
@@ -2150,6 +2155,8 @@ public final class WindwardScheme {
                 }
                 if (heap.isFull() && status == 'r') {
                     fail('o');
+                    saveRegisters();
+                    heap.collect();
                 }
             }
             saveRegisters();
