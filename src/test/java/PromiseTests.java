@@ -386,6 +386,19 @@ public final class PromiseTests {
         typed(x, "1");
         due("full", of(x::read), STATE);
         due("data", x.data(), 3000);
+        String[] texts = {"1", "()", "(1)", "(1 . 2)", "((1) 2)", "(() . ())", "((s1 . s2) #t . #f)"};
+        int[] needed = {1, 1, 3, 3, 7, 3, 7};
+        for (int i = 0; i < texts.length; i++) {
+            WindwardScheme y = new WindwardScheme();
+            for (int j = 0; j < 3001 - needed[i]; j++) y.empty();
+            typed(y, texts[i]);
+            due("1 too many: " + texts[i], of(y::read), STATE);
+            due("none was laid", y.data(), 3001 - needed[i]);
+            WindwardScheme z = new WindwardScheme();
+            for (int j = 0; j < 3000 - needed[i]; j++) z.empty();
+            typed(z, texts[i]);
+            due("just right: " + texts[i], of(z::read), 2999);
+        }
     }
 
     private static void expansions() {
@@ -571,6 +584,10 @@ public final class PromiseTests {
         due("names with other marks are different", expanded(x, "(g t)"), "(lambda (x0 x1) x1)");
         run(x, "(define-syntax g () ((_ a) (lambda (t t) a)))");
         due("names with one mark are not", expanded(x, "(g 1)"), ARGUMENT);
+        run(x, "(define-syntax g () ((_ a) ((lambda (t) (h t a)) 1)))");
+        run(x, "(define-syntax h () ((_ a b) ((lambda (t) (cons a (cons t b))) 2)))");
+        due("each expansion has a mark of its own", run(x, "((lambda (t) (g t)) 3)"), "(1 2 . 3)");
+        due("each expansion has a mark of its own", run(x, "((lambda (t) (g (g t))) 3)"), "(1 2 1 2 . 3)");
     }
 
     private static void limits() {
@@ -625,6 +642,11 @@ public final class PromiseTests {
         due("marks off", expanded(x, "(r)"), "(quote (s40 s40 (s40) s40))");
         due("a datum without marks stays the same", run(x, "(e (1))"), "#t");
         due("a pair with marks is made anew for each form", run(x, "(f)"), "#f");
+        run(x, "(define-syntax e () ((_ a) (cons (eq? (quote a) (quote a)) (eq? (car (quote a)) (car (quote a))))))");
+        run(x, "(define-syntax f () ((_) (e ((k) (1) k))))");
+        due("all of its parts with marks, too", run(x, "(f)"), "(#f . #f)");
+        run(x, "(define-syntax f () ((_ b) (e (b (1) k))))");
+        due("but not those without", run(x, "(f (1))"), "(#f . #t)");
         run(x, "(define-syntax g () ((_ a) ((lambda (b) (eq? (car b) (car (cdr b)))) (quote (a a)))))");
         due("shared without marks", run(x, "(g (1))"), "#t");
         run(x, "(define-syntax h () ((_) (g (k))))");

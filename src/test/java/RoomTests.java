@@ -30,6 +30,8 @@ public final class RoomTests {
         manyContinuations();
         largeExpansions();
         returning();
+        tooMuch();
+        manyObjects();
         System.out.println(wrong == 0 ? "all is as due and fits in the room" : wrong + " answers are not as due");
         if (wrong != 0) System.exit(1);
     }
@@ -60,7 +62,8 @@ public final class RoomTests {
         return state;
     }
 
-    private static void room(String what, WindwardScheme x) throws IllegalAccessException {
+    /** Looks whether the object is within the room, and within the elements that this kind of run should need. */
+    private static void room(String what, WindwardScheme x, long most) throws IllegalAccessException {
         Set<Object> seen = Collections.newSetFromMap(new IdentityHashMap<>());
         ArrayDeque<Object> open = new ArrayDeque<>();
         open.add(x);
@@ -83,6 +86,7 @@ public final class RoomTests {
         System.out.println(what + ": " + seen.size() + " objects, " + elements + " fields and elements");
         due(what + " objects fit", seen.size() < 600000, true);
         due(what + " elements fit", elements < 7300000, true);
+        due(what + " elements fit in " + most, elements <= most, true);
     }
 
     private static void add(Object object, Set<Object> seen, ArrayDeque<Object> open) {
@@ -95,7 +99,7 @@ public final class RoomTests {
         x.begin(lay(x, "(s30 0)"));
         due("loop", runOn(x, 500), 'r');
         due("loop applications", x.applications(), 250000);
-        room("endless loop", x);
+        room("endless loop", x, 80000);
         x.begin(lay(x, "(s10 1/2 1/3)"));
         x.run(1);
         due("behind the loop", valueOf(x), "5/6");
@@ -107,13 +111,13 @@ public final class RoomTests {
         x.begin(lay(x, "(s30 0)"));
         due("recursion", runOn(x, 500), 'v');
         due("recursion value", valueOf(x), "50000");
-        room("deep recursion", x);
+        room("deep recursion", x, 1700000);
         x = new WindwardScheme();
         finish(x, "(s3 s30 (s2 (s41) (s10 1 (s30 s41))))");
         x.begin(lay(x, "(s30 0)"));
         due("endless recursion", runOn(x, 500), 'r');
         due("endless recursion applications", x.applications(), 250000);
-        room("endless recursion", x);
+        room("endless recursion", x, 5000000);
     }
 
     private static void longList() throws IllegalAccessException {
@@ -131,7 +135,7 @@ public final class RoomTests {
         }
         due("apply", finish(x, "(s24 (s2 (s41 . s42) (s17 s42)) s31)"), 'v');
         due("applied", valueOf(x), "59998");
-        room("long list", x);
+        room("long list", x, 1300000);
     }
 
     private static void deepFirstParts() throws IllegalAccessException {
@@ -139,7 +143,7 @@ public final class RoomTests {
         finish(x, "(s3 s30 (s2 (s41) (s30 (s16 s41 (s16 1 2)))))");
         x.begin(lay(x, "(s30 0)"));
         due("deep parts", runOn(x, 500), 'r');
-        room("deep first parts", x);
+        room("deep first parts", x, 1200000);
     }
 
     private static void deepWinds() throws IllegalAccessException {
@@ -160,7 +164,7 @@ public final class RoomTests {
         x.begin(lay(x, "(s26 (s2 () (s31 (s27 9))) (s2 (s41) s41))"));
         due("abort ahead of the jump", runOn(x, 100), 'v');
         due("sound", x.isSound(), true);
-        room("deep winds", x);
+        room("deep winds", x, 400000);
     }
 
     private static void deepHandlers() throws IllegalAccessException {
@@ -170,7 +174,7 @@ public final class RoomTests {
         x.begin(lay(x, "(s28 (s2 (s41) 5) (s2 () (s30 0)))"));
         due("handlers", runOn(x, 450), 'v');
         due("handlers value", valueOf(x), "20005");
-        room("deep handlers", x);
+        room("deep handlers", x, 900000);
     }
 
     private static void manyContinuations() throws IllegalAccessException {
@@ -179,7 +183,7 @@ public final class RoomTests {
         finish(x, "(s3 s30 (s2 (s41) (s5 (s4 s31 (s16 (s22 (s2 (s46) s46)) s31)) (s30 (s10 s41 1)))))");
         x.begin(lay(x, "(s30 0)"));
         due("continuations", runOn(x, 500), 'r');
-        room("many continuations", x);
+        room("many continuations", x, 2300000);
     }
 
     private static void largeExpansions() throws IllegalAccessException {
@@ -199,7 +203,7 @@ public final class RoomTests {
             due("expansion run " + i, x.run(1), 'v');
         }
         due("expansions", x.expansions(), 200 * 15);
-        room("large expansions", x);
+        room("large expansions", x, 80000);
     }
 
     /** Frames that are come back to without any application in between. */
@@ -209,6 +213,24 @@ public final class RoomTests {
         x.begin(lay(x, "(s30 0)"));
         due("returning", runOn(x, 400), 'v');
         due("returning value", valueOf(x), "4");
-        room("returning", x);
+        room("returning", x, 900000);
+    }
+
+    /** What is in use at once is more than the heap takes: the run ends, and the object can still be used. */
+    private static void tooMuch() throws IllegalAccessException {
+        WindwardScheme x = new WindwardScheme();
+        finish(x, "(s3 s30 (s2 (s31 s32 s33 s34 s35 s36 s37 s38 s39 s40) (s10 s31 (s30 s31 s32 s33 s34 s35 s36 s37 s38 s39 s40))))");
+        x.begin(lay(x, "(s30 1 2 3 4 5 6 7 8 9 10)"));
+        due("too much", runOn(x, 500), 'e');
+        due("sound", x.isSound(), true);
+        due("behind it", finish(x, "(s10 1 2)"), 'v');
+        due("behind it", valueOf(x), "3");
+        room("too much", x, 7100000);
+    }
+
+    private static void manyObjects() throws IllegalAccessException {
+        WindwardScheme x = new WindwardScheme();
+        for (int i = 0; i < 500; i++) x.number(i, 7);
+        room("laid data alone", x, 40000);
     }
 }
