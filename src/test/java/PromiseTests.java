@@ -495,7 +495,7 @@ public final class PromiseTests {
             "yes", "(_ a b ...)", "(m)", "no", "(_ a b ...)", "(m 1)", "yes", "(_ (a ...))", "(m (1 . 2))", "no", "(_ (a ...))", "(m 1)", "no",
             "(_ (a b) ...)", "(m (1 2) (3 4))", "yes", "(_ (a b) ...)", "(m (1 2) (3))", "no", "(_ (a ...) ...)", "(m () (1))", "yes", "(_ 1 ...)",
             "(m 1 1)", "yes", "(_ 1 ...)", "(m 1 2)", "no", "(_ k ...)", "(m k k)", "yes", "(_ k ...)", "(m k a)", "no", "(_ if)", "(m if)", "yes",
-            "(_ (k a))", "(m (k))", "no", "(_ a . 1)", "(m 2)", "no"
+            "(_ (k a))", "(m (k))", "no", "(_ a . 1)", "(m 2)", "no", "(_ quote)", "(m 5)", "yes", "(_ (quote) 1)", "(m (5) 1)", "yes", "(_ #f)", "(m ())", "no"
         };
         for (int i = 0; i < matches.length; i += 3) {
             run(x, "(define-syntax m (k if) (" + matches[i] + " 100) ((_ . _) 200))");
@@ -771,8 +771,9 @@ public final class PromiseTests {
                 "((2 3) . 1)", "((lambda (a . b) b) 1)", "()", "((lambda (a) 5 (set! a 2) a) 1)", "2", "(set! a 9)", "#u", "a", "9",
                 "((lambda (b) (begin (set! b (+ b 1)) b)) 1)", "2", "(define c (lambda (n) (lambda () (begin (set! n (+ n 1)) n))))", "#u",
                 "(define d (c 5))", "#u", "(d)", "6", "(d)", "7", "((c 5))", "6", "(d)", "8", "(((lambda (a) (lambda (b) (cons a b))) 1) 2)", "(1 . 2)",
-                "(define f (lambda (n) (if (= n 0) 1 (* n (f (- n 1))))))", "#u", "(f 5)", "120", "(define if 3)", "#u", "if", "3", "(if 1 2)", "error n",
-                "(define-syntax a () ((_) 4))", "#u", "(a)", "4", "a", "error x", "(define a 5)", "#u", "(a)", "error n", "a", "5", "(a 1 b)", "error u");
+                "(define f (lambda (n) (if (= n 0) 1 (* n (f (- n 1))))))", "#u", "(f 5)", "120",
+                "(define b (lambda () (quote 1)))", "#u", "(define quote 3)", "#u", "quote", "3", "(b)", "1", "(quote 1)", "error n", "(define if 3)", "#u", "if", "3", "(if 1 2)", "error n",
+                "(define-syntax a () ((_) 4))", "#u", "(a)", "4", "a", "error x", "(define a 5)", "#u", "(a)", "error n", "a", "5", "(a 1 y)", "error u");
         all("(define f (lambda () g))", "#u", "(f)", "error u", "(define g 1)", "#u", "(f)", "1", "(define-syntax g ())", "#u", "(f)", "error u",
                 "(define h (lambda (n) (set! n 5) (set! m n)))", "#u", "(h 1)", "error u", "(define m 0)", "#u", "(h 1)", "#u", "m", "5",
                 "(define-syntax m ())", "#u", "(h 1)", "error u", "(set! z (car 1))", "error t", "(set! z 1)", "error u", "(define k (lambda () (k)))", "#u",
@@ -865,6 +866,14 @@ public final class PromiseTests {
         due("a common one stays", notes(x), "(2 6 5 4 3 6 5 4 3 1)");
         due("out of two", run(x, "(call/cc (lambda (o) (w 1 (lambda () (w 3 (lambda () (o 8)))))))"), "8");
         due("both are left", notes(x), "(2 4 3 1)");
+        run(x, "(w 7 (lambda () (call/cc (lambda (a) (set! j a)))))");
+        notes(x);
+        run(x, "(begin (set! k 0) (w 1 (lambda () (w 3 (lambda () (w 5 (lambda () (if (= k 0) (begin (set! k 1) (j 9)) 2))))))))");
+        due("out of three and into one", notes(x), "(8 7 2 4 6 5 3 1)");
+        run(x, "(w 1 (lambda () (w 3 (lambda () (w 5 (lambda () (call/cc (lambda (a) (set! j a)))))))))");
+        notes(x);
+        run(x, "(w 7 (lambda () (j 9)))");
+        due("out of one and into three", notes(x), "(2 4 6 5 3 1 8 7)");
         due("to where it is", run(x, "(w 1 (lambda () (+ 1 (call/cc (lambda (o) (o 8))))))"), "9");
         due("nothing is left for it", notes(x), "(2 1)");
         windCounts();

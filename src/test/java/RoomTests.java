@@ -32,6 +32,7 @@ public final class RoomTests {
         returning();
         tooMuch();
         manyObjects();
+        marksThatWait();
         System.out.println(wrong == 0 ? "all is as due and fits in the room" : wrong + " answers are not as due");
         if (wrong != 0) System.exit(1);
     }
@@ -226,6 +227,22 @@ public final class RoomTests {
         due("behind it", finish(x, "(s10 1 2)"), 'v');
         due("behind it", valueOf(x), "3");
         room("too much", x, 7100000);
+    }
+
+    /** A datum with marks is handed on while cells are used again, and is quoted at last. */
+    private static void marksThatWait() throws IllegalAccessException {
+        WindwardScheme x = new WindwardScheme();
+        finish(x, "(s6 s50 () ((s8 () s31) (s0 s31)) ((s8 (s30 s32 s7) s31) (s5 (s0 (s30 s32 s7 s40 (s41 s30) s32 s7)) "
+                + "(s50 (s32 s7) s31))))");
+        finish(x, "(s6 s51 () ((s8 s30) (s50 s30 (s40 (s41 (s42)) 1 . s43))))");
+        finish(x, "(s6 s52 () ((s8 s30) (s5 (s51 s30) (s51 s30) (s51 s30) (s51 s30))))");
+        String items = "1 2 3 4 5 6 7 8 9 10 11 12 13 14 15 16 17 18 19 20 21 22 23 24 25 26 27 28 29 30 31 32 33 34 35 36 37 38 39 40";
+        for (int i = 0; i < 20; i++) {
+            due("marks", finish(x, "(s52 (" + items + "))"), 'v');
+            due("marks off", valueOf(x), "(s40 (s41 (s42)) 1 . s43)");
+        }
+        due("marks expansions", x.expansions(), 20 * (1 + 4 * (1 + 41)));
+        room("marks that wait", x, 120000);
     }
 
     private static void manyObjects() throws IllegalAccessException {
