@@ -2388,7 +2388,9 @@ public final class WindwardScheme {
                     enter(heap.at(extra, ITEM));
                     goOnWithJump(subject, heap.at(extra, NEXT));
                     break;
-                default: // a prompt that is come back to lets the value through
+                default:
+                    // A prompt that is come back to lets the value through.
+                    break;
             }
         }
 

@@ -28,9 +28,9 @@ public final class RandomRuns {
         long seed = args.length > 1 ? Long.parseLong(args[1]) : 1;
         for (int i = 0; i < objects; i++) {
             RandomRuns runs = new RandomRuns(seed + i);
-            runs.one(i % 4);
+            runs.one(i % 5);
             if (runs.wrong > 0) {
-                System.out.println("seed " + (seed + i) + ", kind " + i % 4);
+                System.out.println("seed " + (seed + i) + ", kind " + i % 5);
                 for (String line : runs.history) System.out.println(line);
                 System.exit(1);
             }
@@ -165,6 +165,7 @@ public final class RandomRuns {
             for (int i = 0; i < programs && wrong == 0; i++) {
                 if (kind == 2) macroProgram();
                 else if (kind == 3) readings();
+                else if (kind == 4) wildCalls();
                 else program(kind == 1);
             }
         } catch (TooMuch e) {
@@ -503,6 +504,46 @@ public final class RandomRuns {
             if (chance(20)) form = "((lambda (s5" + random.nextInt(3) + ") " + form + ") 1)";
             if (chance(10)) form = "(s55 " + form + ")";
             runProgram(form);
+        }
+    }
+
+    // ---- wild calls
+
+    private int wild() {
+        switch (random.nextInt(6)) {
+            case 0:
+                return random.nextInt();
+            case 1:
+                return new int[] {Integer.MIN_VALUE, Integer.MAX_VALUE, -1, 0, 1, 59, 60, 500, 501, 3000, -1000000000, 1000000000,
+                    -1000000001, 1000000001}[random.nextInt(14)];
+            default:
+                return random.nextInt(Math.max(1, plain.data() + 2)) - 1;
+        }
+    }
+
+    /** Any method with any arguments, in any state. */
+    private void wildCalls() throws Exception {
+        List<Method> methods = new ArrayList<>();
+        for (Method m : WindwardScheme.class.getDeclaredMethods()) {
+            if (java.lang.reflect.Modifier.isPublic(m.getModifiers())) methods.add(m);
+        }
+        methods.sort((a, b) -> a.getName().compareTo(b.getName()));
+        for (int i = 0; i < 60 && wrong == 0; i++) {
+            if (chance(50)) {
+                call("pair", wild(), wild());
+                if (chance(30)) call("symbol", random.nextInt(62) - 1);
+                continue;
+            }
+            Method m = methods.get(random.nextInt(methods.size()));
+            Object[] args = new Object[m.getParameterCount()];
+            for (int j = 0; j < args.length; j++) {
+                Class<?> type = m.getParameterTypes()[j];
+                args[j] = type == boolean.class ? (Object) chance(50)
+                        : type == char.class ? (Object) (chance(80) ? "()s0123456789#tf ./-".charAt(random.nextInt(20)) : (char) wild())
+                        : (Object) wild();
+            }
+            String got = call(m.getName(), args);
+            if (m.getName().startsWith("write") && !got.startsWith("throws")) text();
         }
     }
 
