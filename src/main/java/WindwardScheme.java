@@ -4,8 +4,7 @@ import java.util.NoSuchElementException;
  * A small Scheme whose programs are data, laid by calls or read from text, and run by units of fuel.
  *
  * <p>All that programs make lives in one heap of equal cells that are used again when nothing reaches them, so that a
- * long row of calls needs no more room than what is still in use. A cell is named by a number; 0 is no cell. Code is
- * named by its address in the heap.
+ * long row of calls needs no more room than what is still in use. A cell is named by a number; 0 is no cell.
  */
 public final class WindwardScheme {
     // The limits of the document.
@@ -31,7 +30,6 @@ public final class WindwardScheme {
     private static final int ELLIPSIS_SYMBOL = 7;
     private static final int BLANK_SYMBOL = 8;
     private static final int FIRST_PRIMITIVE = 10;
-    private static final int LAST_OF_NUMBERS = 15;
     private static final int LAST_PRIMITIVE = 29;
 
     // What a symbol can be.
@@ -47,48 +45,52 @@ public final class WindwardScheme {
     private static final int RENAMED = 3; // the name under it, its mark
     private static final int TRUTH = 4; // 1 or 0
     private static final int EMPTY = 5;
-    private static final int PAIR = 6; // first part, other part, measure
+    private static final int PAIR = 6; // first part, other part, measure; note: see Expander
     private static final int NOTHING = 7;
-    private static final int CLOSURE = 8; // address of the lambda, environment, time
+    private static final int CLOSURE = 8; // lambda, environment, stamp
     private static final int PRIMITIVE = 9; // its symbol
     private static final int CONTINUATION = 10; // frames, winds, handlers
-    private static final int VIEW = 11; // frame or pair, whose list it is or 0, place in the call: see Values
-    // Kinds of cells: rows, each with an item and the next one.
-    private static final int LINK = 12; // item, next
-    private static final int SCOPE = 13; // name, next; note: see Expander
-    private static final int MATCH = 14; // pattern variable, next, what it matched
-    private static final int ROW = 15; // first link, last link, length
-    // Kinds of cells: environments: where the arguments are, the one around, what was set; note: see Machine
-    private static final int CALL_ENVIRONMENT = 16; // frame of the call
-    private static final int LIST_ENVIRONMENT = 17; // list
-    private static final int ONE_ENVIRONMENT = 18; // the argument itself
-    private static final int ITEMS_ENVIRONMENT = 19; // items
-    private static final int ITEMS = 20; // value, next, value
-    // Kinds of cells: how far the body of a procedure, or a program, has come
-    private static final int CALL_FRAME = 21; // address of the call, next, state; note: time
-    private static final int STATE = 22; // environment, events, globals; note: what was set in the environment
-    private static final int SAVED = 23; // value, events before, address of the call; note: which part of it
-    private static final int RESUMED = 24; // value, frame of the call that came to it
-    private static final int CHANGED = 25; // globals, events before, what was set before; note: address of the form
-    // Kinds of cells: other frames, of what is still to be done.
-    private static final int HANDLER_FRAME = 26; // handlers to come back to, next
-    private static final int PROMPT_FRAME = 27; // handler, next, continuation of the prompt
-    private static final int BEFORE_FRAME = 28; // wind, next, during
-    private static final int DURING_FRAME = 29; // wind, next
-    private static final int AFTER_FRAME = 30; // value, next
-    private static final int JUMP_FRAME = 31; // goal, next, innermost wind that stays
-    private static final int ENTER_FRAME = 32; // goal, next, wind to be entered
+    private static final int VIEW = 11; // what it is a list of, place in it, stamp: see Values
+    private static final int COPIED = 12; // first part, other part; note: which pair of its datum it is
+    // Kinds of cells: what macros and lambdas are seen by.
+    private static final int LINK = 13; // item, next
+    private static final int SCOPE = 14; // name, next; note: see Expander
+    private static final int BINDING = 15; // name or pattern, next, what it matches; note: pattern of a row: see Macros
+    // Kinds of cells: rows of values: see Values.
+    private static final int ITEMS = 16; // three values; note: next
+    private static final int PACKED = 17; // base, runs, literal values; note: how many values
+    private static final int RUN = 18; // offset, next; note: length and mode
+    // Kinds of cells: what variables are bound to.
+    private static final int ONE_ENVIRONMENT = 19; // value, the environment around
+    private static final int ENVIRONMENT = 20; // row of values, the environment around, lambda
+    // Kinds of cells: code.
+    private static final int PARTS = 21; // three slots; note: next
+    private static final int LAMBDA = 22; // twice the parameters and 1 for a rest, parts of the body
+    private static final int SET_LOCAL = 23; // variable, slot
+    private static final int SET_GLOBAL = 24; // symbol, slot
+    private static final int DEFINITION = 25; // symbol, slot
+    private static final int SYNTAX = 26; // symbol, literals and rules
+    // Kinds of cells: what is still to be done.
+    private static final int PATH = 27; // slot of the form with its part at hand, path of the form around, place
+    private static final int BODY_FRAME = 28; // row of values, next, environment; note: path
+    private static final int HANDLER_FRAME = 29; // handlers to come back to, next
+    private static final int PROMPT_FRAME = 30; // handler, next, continuation of the prompt
+    private static final int BEFORE_FRAME = 31; // wind, next, during
+    private static final int DURING_FRAME = 32; // wind, next
+    private static final int AFTER_FRAME = 33; // value, next
+    private static final int JUMP_FRAME = 34; // goal, next, innermost wind that stays
+    private static final int ENTER_FRAME = 35; // goal, next, wind to be entered
     // Kinds of cells: what frames and registers hold.
-    private static final int WIND = 33; // thunks, the wind around it, handlers; note: a wind further out
-    private static final int THUNKS = 34; // before, after, how many winds there are with it
-    private static final int HANDLER = 35; // procedure, the handler around it, how many handlers there are with it
-    private static final int GOAL = 36; // continuation, value, procedure that takes it or 0
-    private static final int TREE = 37; // four parts; kinds 38 to 42 have trees of the kind below as parts
+    private static final int WIND = 36; // thunks, the wind around it, handlers; note: a wind further out
+    private static final int THUNKS = 37; // before, after, how many winds there are with it
+    private static final int HANDLER = 38; // procedure, the handler around it, how many handlers there are with it
+    private static final int GOAL = 39; // continuation, value, procedure that takes it or 0
 
-    // The fields of a cell that name other cells, by kind: 1 the first field, 2 the second, 4 the third, 8 the note.
+    // The fields of a cell that name other cells, by kind: 1 the first field, 2 the second, 4 the third, 8 the note;
+    // and those that are slots: 16 the first field, 32 the second, 64 the third.
     private static final byte[] REFERENCES = {
-        0, 0, 0, 1, 0, 0, 3, 0, 2, 0, 7, 3, 3, 3, 7, 3, 7, 7, 7, 7, 7, 6, 15, 3, 3, 7, 3, 7, 7, 3, 3, 7, 7, 15, 3, 3, 7, 15,
-        15, 15, 15, 15, 15
+        0, 0, 0, 1, 0, 0, 3, 0, 3, 0, 7, 1, 3, 3, 3, 7, 15, 7, 2, 3, 7, 120, 2, 32, 32, 32, 2, 18, 15, 3, 7, 7, 3, 3, 7, 7,
+        15, 3, 3, 7
     };
 
     // The fields of cells, by the names that fit their kinds.
@@ -99,16 +101,30 @@ public final class WindwardScheme {
     private static final int AMOUNT = 1;
     private static final int DENOMINATOR = 2;
     private static final int UNDER = 1;
-    private static final int STAMP = 2;
+    private static final int MARK = 2;
     private static final int CODE = 1;
-    private static final int ENVIRONMENT = 2;
-    private static final int TIME = 3;
-    private static final int FRAMES = 1;
-    private static final int WINDS = 2;
-    private static final int HANDLERS = 3;
+    private static final int AROUND = 2;
+    private static final int STAMP = 3;
     private static final int ITEM = 1;
     private static final int NEXT = 2;
     private static final int EXTRA = 3;
+    private static final int FRAMES = 1;
+    private static final int WINDS = 2;
+    private static final int HANDLERS = 3;
+
+    // What a slot of code holds, by its lowest bits. Up to QUOTATION the rest of it is a cell.
+    private static final int CALL = 0; // parts
+    private static final int BRANCH = 1; // parts
+    private static final int SEQUENCE = 2; // parts
+    private static final int OTHER = 3; // lambda, setting or definition
+    private static final int CONSTANT = 4; // value
+    private static final int QUOTATION = 5; // value
+    private static final int LOCAL = 6; // place among the variables of its lambda, how many environments out
+    private static final int GLOBAL = 7; // symbol
+    private static final int TAG_MASK = 7;
+    private static final int SLOT_SHIFT = 3;
+    private static final int DEPTH_OUT_SHIFT = 14;
+    private static final int PLACE_MASK = 2047;
 
     // The cells that are always there, in the order in which Store makes them.
     private static final int FIRST_SYMBOL_CELL = 1;
@@ -125,40 +141,25 @@ public final class WindwardScheme {
     private static final int RENAMED_INSIDE = 1 << 19;
     private static final int MEASURE_OF_ONE = 1 << 12 | 1;
 
-    // Kinds of nodes of code, with what is noted of them; a node has a slot for each form in it.
-    private static final int PROGRAM = 1;
-    private static final int LAMBDA = 2; // twice the parameters and 1 for a rest, and the number of the first one
-    private static final int CALL = 3;
-    private static final int BRANCH = 4;
-    private static final int SEQUENCE = 5;
-    private static final int SET_LOCAL = 6; // the slot of the variable
-    private static final int SET_GLOBAL = 7; // symbol
-    private static final int DEFINITION = 8; // symbol
-    private static final int SYNTAX = 9; // symbol; more: literals and rules
-    // What a slot holds, by its lowest bits.
-    private static final int NODE = 0; // address
-    private static final int CONSTANT = 1; // cell
-    private static final int QUOTATION = 2; // cell
-    private static final int LOCAL = 3; // whether it is a rest, place among the parameters, how many environments out
-    private static final int GLOBAL = 4; // symbol
-    private static final int CLOSED = 5; // address of a lambda
-
-    // The heap.
-    private static final int CHUNK_BITS = 11;
-    private static final int CHUNK_WORDS = 2048;
-    private static final int CHUNK_CELLS = 512;
-    private static final int MAX_CHUNKS = 3360;
+    // The heap: a cell is two words of a chunk, each with two of its fields; the head is kind, flags and note.
+    private static final int CHUNK_BITS = 10;
+    private static final int CHUNK_CELLS = 1024;
+    private static final int MAX_CHUNKS = 3150;
     private static final int MAX_CELLS = MAX_CHUNKS * CHUNK_CELLS;
+    private static final long LOW_WORD = 0xFFFFFFFFL;
     private static final int KIND_MASK = 63;
     private static final int MARKED = 64;
     private static final int KEPT = 128;
     private static final int GRAY = 256;
     private static final int NOTE_SHIFT = 9;
-    private static final int MAX_NOTE = (1 << 23) - 1;
+    // Cells that are free ahead of each step, so that none is looked for within it; and those that stay free for data.
+    private static final int SLACK = 16384;
+    private static final int RESERVE = 65536;
 
     // Bounds of loops and recursions that no run comes near to.
     private static final int MAX_STEPS = 2000000000;
     private static final int MAX_LEVEL = 104;
+    private static final int MAX_ROW = 163840;
 
     private final Store store;
     private final Writer writer;
@@ -170,15 +171,14 @@ public final class WindwardScheme {
     public WindwardScheme() {
         Heap heap = new Heap();
         Store laid = new Store(heap);
-        Code code = new Code(heap);
-        Values values = new Values(heap, laid, code);
+        Values values = new Values(heap);
         Counts counted = new Counts();
         store = laid;
         counts = counted;
-        writer = new Writer(heap, code, values);
+        writer = new Writer(heap, values);
         reader = new Reader();
-        expander = new Expander(heap, laid, code);
-        machine = new Machine(heap, laid, code, values, counted);
+        expander = new Expander(heap, laid, values);
+        machine = new Machine(heap, laid, values, counted);
     }
 
     // ---- data
@@ -188,7 +188,8 @@ public final class WindwardScheme {
             throw new IllegalArgumentException("the denominator is 0, or the number is out of range");
         }
         needRoomForOne();
-        return needLaid(store.lay(store.fraction(numerator, denominator)));
+        store.makeRoom();
+        return needLaid(store.layNumber(numerator, denominator));
     }
 
     public int symbol(int symbol) throws IllegalArgumentException, IllegalStateException {
@@ -208,6 +209,7 @@ public final class WindwardScheme {
         needDatum(first);
         needDatum(rest);
         needRoomForOne();
+        store.makeRoom();
         return needLaid(store.layPair(first, rest));
     }
 
@@ -263,9 +265,7 @@ public final class WindwardScheme {
         if (program == 0) {
             throw new IllegalArgumentException("the program is wrong");
         }
-        int length = writer.putAll(true, program);
-        expander.forget();
-        return needWritten(length);
+        return needWritten(writer.putAll(true, program));
     }
 
     public char charAt(int index) throws IndexOutOfBoundsException {
@@ -296,6 +296,7 @@ public final class WindwardScheme {
         if (reader.needed > MAX_DATA - store.count) {
             throw new IllegalStateException("there would be too many data");
         }
+        store.makeRoom();
         return needLaid(reader.layAll(store));
     }
 
@@ -324,20 +325,20 @@ public final class WindwardScheme {
 
     public char valueKind() throws IllegalStateException, NoSuchElementException {
         needValue();
-        return store.letterOf(machine.value);
+        return store.letterOf(machine.result());
     }
 
     public long valueAmount() throws IllegalStateException, NoSuchElementException, UnsupportedOperationException {
         needValue();
-        if (store.letterOf(machine.value) != 'n') {
+        if (store.letterOf(machine.result()) != 'n') {
             throw new UnsupportedOperationException("the value is no number");
         }
-        return store.firstFieldOf(machine.value);
+        return store.firstFieldOf(machine.result());
     }
 
     public int writeValue() throws IllegalStateException, NoSuchElementException, UnsupportedOperationException {
         needValue();
-        return needWritten(writer.putAll(false, machine.value));
+        return needWritten(writer.putAll(false, machine.result()));
     }
 
     public char error() throws IllegalStateException, NoSuchElementException {
@@ -471,22 +472,36 @@ public final class WindwardScheme {
         }
     }
 
-    /** A row of numbers; outside of it there are zeros. */
+    /** A row of numbers; outside of it there are zeros. It grows up to its most when a number is put behind its end. */
     private static final class Row {
-        final int[] words;
+        private final int most;
+        private long[] words;
+        int used; // how many of them count, where others may lie behind them
 
-        Row(int length) {
-            words = new int[length < 0 ? 0 : length];
+        Row(int length, int most) {
+            this.most = most;
+            words = new long[length < 0 ? 0 : length];
+            used = words.length;
         }
 
         int get(int index) {
-            return index >= 0 && index < words.length ? words[index] : 0;
+            return index >= 0 && index < words.length ? (int) words[index] : 0;
         }
 
         void put(int index, int word) {
+            if (index >= words.length && index < most) {
+                long[] more = new long[Math.min(most, Math.max(index + 1, 4 * words.length))];
+                System.arraycopy(words, 0, more, 0, words.length);
+                words = more;
+            }
             if (index >= 0 && index < words.length) {
                 words[index] = word;
             }
+        }
+
+        void add(int word) {
+            put(used, word);
+            used++;
         }
 
         void fillWithZeros() {
@@ -496,88 +511,125 @@ public final class WindwardScheme {
         }
     }
 
-    /**
-     * Chunks of words. Some hold cells of a head and three fields; those that no root reaches are found by collect() and
-     * used again. Others hold the code of groups of programs, which stay as long as a cell names code in them; the first
-     * word of a group is a list of data that are quoted in it.
-     */
+    /** Cells, each with a head and three fields. Those that no root reaches are found by collect() and used again. */
     private static final class Heap {
-        private static final int MAX_ROOTS = 8;
+        private static final int MAX_ROOTS = 16;
         private static final int MIN_DUE = 8192;
-        private static final int RESERVE = 49152;
-        private static final int CHUNKS_FOR_CODE = 64;
         private static final int MAX_STACK = 8192;
-        private static final int SHARED = 512;
-        private static final int OF_CELLS = -1;
-        private static final int IN_USE = 1 << 30;
+        private static final int SHARED = 16384;
+        private static final int SHARED_SHIFT = 18;
 
         private final Row[] chunks;
-        private final int[] uses; // of each chunk: 0 none, OF_CELLS, or 1 more than the first chunk of its group
-        private final Row[] roots;
+        private int chunkCount;
+        private final Row[] roots; // cells
         private int rootCount;
+        private final Row[] slotRoots; // slots of code
+        private int slotRootCount;
+        private final Row[] weak; // cells that are forgotten if nothing else reaches them
+        private int weakCount;
         private final Row shared;
         private int[] stack;
         private int stacked;
         private boolean isStackShort;
-        private int fresh;
-        private int freshEnd;
         private int free;
+        int freeCells;
         private int made;
         private int due;
         private int live;
-        private int chunksOfCells;
-        private int chunksOfCode;
-        private int lowest;
-        int codeAtHand; // an address in code that stays, or 0
-        int openGroup; // the group of the program that is expanded, or 0
-        int releases; // how many chunks of code have been given back
+        int collections;
 
         Heap() {
             chunks = new Row[MAX_CHUNKS];
-            uses = new int[MAX_CHUNKS];
             roots = new Row[MAX_ROOTS];
-            shared = new Row(SHARED);
-            fresh = 1;
+            slotRoots = new Row[MAX_ROOTS];
+            weak = new Row[MAX_ROOTS];
             due = MIN_DUE;
+            shared = newWeakRow(SHARED);
+            addChunk();
         }
 
-        /** A new cell; 0 if the heap is full. */
+        /** A new row of cells that stay as long as they stand in it. */
+        Row newRoots(int length, int most) {
+            Row row = new Row(length, most);
+            if (rootCount < roots.length) {
+                roots[rootCount] = row;
+                rootCount++;
+            }
+            return row;
+        }
+
+        Row newSlotRoots(int length, int most) {
+            Row row = new Row(length, most);
+            if (slotRootCount < slotRoots.length) {
+                slotRoots[slotRootCount] = row;
+                slotRootCount++;
+            }
+            return row;
+        }
+
+        Row newWeakRow(int length) {
+            Row row = new Row(length, length);
+            if (weakCount < weak.length) {
+                weak[weakCount] = row;
+                weakCount++;
+            }
+            return row;
+        }
+
+        /** Lets so many cells be free, if that can be; whether a reserve is left besides. */
+        boolean makeRoom(int cells, int reserve) {
+            if (made >= due) {
+                collect();
+            }
+            addChunks(cells);
+            if (made > 0 && freeCells < (chunkCount < MAX_CHUNKS ? cells : cells + reserve)) {
+                collect();
+                addChunks(cells);
+            }
+            return freeCells + (MAX_CHUNKS - chunkCount) * CHUNK_CELLS >= cells + reserve;
+        }
+
+        private void addChunks(int cells) {
+            for (int i = 0; i < MAX_CHUNKS && freeCells < cells && chunkCount < MAX_CHUNKS; i++) {
+                addChunk();
+            }
+        }
+
+        private void addChunk() {
+            if (chunkCount >= chunks.length) {
+                return;
+            }
+            chunks[chunkCount] = new Row(2 * CHUNK_CELLS, 0);
+            int first = Math.max(1, chunkCount * CHUNK_CELLS);
+            chunkCount++;
+            for (int cell = chunkCount * CHUNK_CELLS - 1; cell >= first; cell--) {
+                put(cell, ITEM, free);
+                free = cell;
+                freeCells++;
+            }
+        }
+
+        /** A new cell; 0 if none is free. */
         int make(int cellKind, int note, int one, int two, int three) {
             int cell = free;
-            if (cell != 0) {
-                free = at(cell, ITEM);
-            } else {
-                int taken = fresh >= freshEnd && chunksOfCells < MAX_CHUNKS - CHUNKS_FOR_CODE ? unusedChunk(OF_CELLS) : -1;
-                if (taken >= 0 && taken < chunks.length) {
-                    chunks[taken] = chunks[taken] == null ? new Row(CHUNK_WORDS) : chunks[taken];
-                    chunks[taken].fillWithZeros();
-                    fresh = Math.max(1, taken * CHUNK_CELLS);
-                    freshEnd = (taken + 1) * CHUNK_CELLS;
-                }
-                if (fresh >= freshEnd) {
-                    return 0;
-                }
-                cell = fresh;
-                fresh++;
-            }
-            int place = cell >> CHUNK_BITS - 2;
-            int base = (cell & CHUNK_CELLS - 1) << 2;
-            if (place < 0 || place >= chunks.length || chunks[place] == null || base + 3 >= chunks[place].words.length) {
+            int place = cell >> CHUNK_BITS;
+            int index = (cell & CHUNK_CELLS - 1) << 1;
+            if (cell <= 0 || place >= chunks.length || chunks[place] == null || index + 1 >= chunks[place].words.length) {
                 return 0;
             }
-            int[] words = chunks[place].words;
-            words[base] = cellKind | note << NOTE_SHIFT;
-            words[base + 1] = one;
-            words[base + 2] = two;
-            words[base + 3] = three;
+            long[] words = chunks[place].words;
+            free = (int) (words[index] >>> 32);
+            words[index] = (cellKind | note << NOTE_SHIFT) & LOW_WORD | (long) one << 32;
+            words[index + 1] = two & LOW_WORD | (long) three << 32;
+            freeCells--;
             made++;
             return cell;
         }
 
-        /** A cell that is never changed: the one that was made lately, if there is one like it. */
+        /** A cell that is never changed: one like it that was made before, if that is still known. */
         int makeShared(int cellKind, int note, int one, int two, int three) {
-            int hash = (((cellKind * 31 + note) * 31 + one) * 31 + two) * 31 + three;
-            int place = (hash ^ hash >>> 15) & SHARED - 1;
+            int hash = ((((cellKind * 31 + note) * 31 + one) * 31 + two) * 31 + three) * 0x9E3779B1;
+            int place = hash >>> SHARED_SHIFT;
             int cell = shared.get(place);
             if (cell != 0
                     && (at(cell, HEAD) & ~(MARKED | KEPT | GRAY)) == (cellKind | note << NOTE_SHIFT)
@@ -591,111 +643,54 @@ public final class WindwardScheme {
             return cell;
         }
 
-        /** A chunk that was not in use; -1 if there is none. */
-        private int unusedChunk(int use) {
-            for (int i = lowest; i >= 0 && i < uses.length; i++) {
-                if (uses[i] == 0) {
-                    uses[i] = use;
-                    lowest = i + 1;
-                    chunksOfCells += use == OF_CELLS ? 1 : 0;
-                    chunksOfCode += use == OF_CELLS ? 0 : 1;
-                    return i;
-                }
-            }
-            return -1;
-        }
-
-        /** A chunk for the code of a group, or of a new group if that is 0; -1 if there is none. */
-        int chunkForCode(int group) {
-            int taken = unusedChunk(group == 0 ? MAX_CHUNKS : group);
-            if (taken >= 0 && taken < chunks.length && taken < uses.length) {
-                chunks[taken] = chunks[taken] == null ? new Row(CHUNK_WORDS) : chunks[taken];
-                chunks[taken].fillWithZeros();
-                uses[taken] = group == 0 ? taken + 1 : group;
-            }
-            made += CHUNK_CELLS;
-            return taken;
-        }
-
-        int groupOf(int chunk) {
-            return chunk >= 0 && chunk < uses.length && uses[chunk] > 0 ? uses[chunk] : 0;
-        }
-
-        /** Gives back the chunks of a group, but for one. */
-        void release(int group, int but) {
-            for (int i = 0; i < uses.length && group > 0; i++) {
-                if (uses[i] == group && i != but) {
-                    releaseChunk(i);
-                }
-            }
-        }
-
-        private void releaseChunk(int chunk) {
-            if (chunk >= 0 && chunk < uses.length) {
-                boolean isCode = uses[chunk] > 0;
-                uses[chunk] = 0;
-                lowest = Math.min(lowest, chunk);
-                chunksOfCode -= isCode ? 1 : 0;
-                chunksOfCells -= isCode ? 0 : 1;
-                releases += isCode ? 1 : 0;
-            }
-        }
-
-        int word(int address) {
-            int place = address >> CHUNK_BITS;
-            if (place < 0 || place >= chunks.length || chunks[place] == null) {
-                return 0;
-            }
-            int[] words = chunks[place].words;
-            int index = address & CHUNK_WORDS - 1;
-            return index < words.length ? words[index] : 0;
-        }
-
-        void putWord(int address, int word) {
-            int place = address >> CHUNK_BITS;
-            if (place >= 0 && place < chunks.length && chunks[place] != null) {
-                int[] words = chunks[place].words;
-                int index = address & CHUNK_WORDS - 1;
-                if (index < words.length) {
-                    words[index] = word;
-                }
-            }
-        }
-
         int at(int cell, int field) {
-            int place = cell >> CHUNK_BITS - 2;
+            int place = cell >> CHUNK_BITS;
             if (place < 0 || place >= chunks.length || chunks[place] == null) {
                 return 0;
             }
-            int[] words = chunks[place].words;
-            int index = ((cell & CHUNK_CELLS - 1) << 2) + field;
-            return index >= 0 && index < words.length ? words[index] : 0;
+            long[] words = chunks[place].words;
+            int index = ((cell & CHUNK_CELLS - 1) << 1) + (field >> 1);
+            return index >= 0 && index < words.length ? (int) (words[index] >>> ((field & 1) << 5)) : 0;
         }
 
         void put(int cell, int field, int word) {
-            int place = cell >> CHUNK_BITS - 2;
-            int index = ((cell & CHUNK_CELLS - 1) << 2) + field;
-            if (cell > 0 && place < chunks.length && chunks[place] != null) {
-                chunks[place].put(index, word);
+            int place = cell >> CHUNK_BITS;
+            int index = ((cell & CHUNK_CELLS - 1) << 1) + (field >> 1);
+            if (cell <= 0 || place >= chunks.length || chunks[place] == null || index >= chunks[place].words.length) {
+                return;
+            }
+            long[] words = chunks[place].words;
+            if (index >= 0) {
+                boolean isLow = (field & 1) == 0;
+                long old = words[index];
+                words[index] = isLow ? old & ~LOW_WORD | word & LOW_WORD : old & LOW_WORD | (long) word << 32;
             }
         }
 
         int kindOf(int cell) {
-            int place = cell >> CHUNK_BITS - 2;
-            int index = (cell & CHUNK_CELLS - 1) << 2;
+            int place = cell >> CHUNK_BITS;
+            int index = (cell & CHUNK_CELLS - 1) << 1;
             boolean isThere = place >= 0 && place < chunks.length && chunks[place] != null;
-            return isThere && index < chunks[place].words.length ? chunks[place].words[index] & KIND_MASK : FREE;
+            return isThere && index < chunks[place].words.length ? (int) chunks[place].words[index] & KIND_MASK : FREE;
         }
 
         int noteOf(int cell) {
-            int place = cell >> CHUNK_BITS - 2;
-            int index = (cell & CHUNK_CELLS - 1) << 2;
+            int place = cell >> CHUNK_BITS;
+            int index = (cell & CHUNK_CELLS - 1) << 1;
             boolean isThere = place >= 0 && place < chunks.length && chunks[place] != null;
-            return isThere && index < chunks[place].words.length ? chunks[place].words[index] >>> NOTE_SHIFT : 0;
+            return isThere && index < chunks[place].words.length ? (int) chunks[place].words[index] >>> NOTE_SHIFT : 0;
         }
 
         void setNote(int cell, int note) {
             put(cell, HEAD, at(cell, HEAD) & (1 << NOTE_SHIFT) - 1 | note << NOTE_SHIFT);
+        }
+
+        /** Gives a cell back that nothing reaches any more. */
+        void release(int cell) {
+            put(cell, HEAD, FREE);
+            put(cell, ITEM, free);
+            free = cell;
+            freeCells++;
         }
 
         /** Lets a cell stay for ever; all that it reaches must stay, too. */
@@ -703,190 +698,136 @@ public final class WindwardScheme {
             put(cell, HEAD, at(cell, HEAD) | KEPT);
         }
 
-        boolean isKept(int cell) {
-            return (at(cell, HEAD) & KEPT) != 0;
-        }
-
-        /** A new row of cells that stay as long as they stand in it. */
-        Row newRoots(int length) {
-            Row row = new Row(length);
-            if (rootCount >= 0 && rootCount < roots.length) {
-                roots[rootCount] = row;
-                rootCount++;
+        /**
+         * Whether the primitive 21 holds. Numbers are the same by what they are; closures and lists may be made again
+         * whenever they are looked for, so these are known by all that they are, too.
+         */
+        boolean areSame(int one, int other) {
+            if (one == other) {
+                return true;
             }
-            return row;
-        }
-
-        /** The leaf of a tree at this place; 0 if there is none. */
-        int leaf(int tree, int place) {
-            int node = tree;
-            int level = tree == 0 ? -1 : (at(tree, HEAD) & KIND_MASK) - TREE;
-            if (place >> 2 * level + 2 != 0) {
-                return 0;
+            int place = one >> CHUNK_BITS;
+            int otherPlace = other >> CHUNK_BITS;
+            int index = (one & CHUNK_CELLS - 1) << 1;
+            int otherIndex = (other & CHUNK_CELLS - 1) << 1;
+            if (place < 0 || place >= chunks.length || otherPlace < 0 || otherPlace >= chunks.length) {
+                return false;
             }
-            for (int i = level; i >= 0 && node != 0; i--) {
-                int which = place >> 2 * i & 3;
-                node = which == 3 ? at(node, HEAD) >>> NOTE_SHIFT : at(node, which + 1);
+            if (chunks[place] == null || chunks[otherPlace] == null) {
+                return false;
             }
-            return node;
-        }
-
-        /** A tree that is like this one, but has this leaf at this place. */
-        int withLeaf(int tree, int place, int leaf) {
-            if (leaf(tree, place) == leaf) {
-                return tree;
+            long[] words = chunks[place].words;
+            long[] otherWords = chunks[otherPlace].words;
+            if (index + 1 >= words.length || otherIndex + 1 >= otherWords.length) {
+                return false;
             }
-            int top = tree;
-            int level = tree == 0 ? 0 : kindOf(tree) - TREE;
-            for (int i = 0; i < 5 && place >> 2 * level + 2 != 0; i++) {
-                level++;
-                top = top == 0 ? 0 : makeShared(TREE + level, 0, top, 0, 0);
-            }
-            int built = leaf;
-            for (int i = 0; i <= level; i++) {
-                int node = top;
-                for (int j = level; j > i && node != 0; j--) {
-                    int which = place >> 2 * j & 3;
-                    node = which == 3 ? noteOf(node) : at(node, which + 1);
-                }
-                int part = place >> 2 * i & 3;
-                built = makeShared(TREE + i, part == 3 ? built : noteOf(node), part == 0 ? built : at(node, 1),
-                        part == 1 ? built : at(node, 2), part == 2 ? built : at(node, 3));
-            }
-            return built;
+            int cellKind = (int) words[index] & KIND_MASK;
+            return (cellKind == NUMBER || cellKind == CLOSURE || cellKind == VIEW)
+                    && ((int) otherWords[otherIndex] & KIND_MASK) == cellKind
+                    && words[index] >>> 32 == otherWords[otherIndex] >>> 32
+                    && words[index + 1] == otherWords[otherIndex + 1];
         }
 
-        boolean isDue() {
-            return made >= due;
-        }
-
-        private int spareCells() {
-            int most = Math.min(MAX_CHUNKS - chunksOfCode, MAX_CHUNKS - CHUNKS_FOR_CODE);
-            return most * CHUNK_CELLS - live - RESERVE;
-        }
-
-        /** Whether so much is in use that just the reserve is left, which is for data and expansions. */
-        boolean isFull() {
-            return spareCells() < 0;
-        }
-
-        void collect() {
+        private void collect() {
             stacked = 0;
             isStackShort = false;
             stack = stack == null ? new int[MAX_STACK] : stack;
-            shared.fillWithZeros();
-            useCode(codeAtHand);
-            useCode(openGroup - 1 << CHUNK_BITS);
             for (int i = 0; i < rootCount && i < roots.length; i++) {
-                Row row = roots[i];
-                int length = row == null ? 0 : row.words.length;
-                for (int j = 0; j < length; j++) {
-                    shade(row.get(j));
+                for (int j = 0; roots[i] != null && j < roots[i].used; j++) {
+                    shade(roots[i].get(j));
                 }
+                scanStacked();
             }
-            scanStacked();
-            for (int i = 0; i < MAX_CHUNKS && isStackShort; i++) {
+            for (int i = 0; i < slotRootCount && i < slotRoots.length; i++) {
+                for (int j = 0; slotRoots[i] != null && j < slotRoots[i].used; j++) {
+                    int slot = slotRoots[i].get(j);
+                    shade((slot & TAG_MASK) <= QUOTATION ? slot >>> SLOT_SHIFT : 0);
+                }
+                scanStacked();
+            }
+            for (int i = 0; i < MAX_CELLS && isStackShort; i++) {
                 isStackShort = false;
                 scanGray();
             }
-            sweepCells();
-            sweepCode();
+            forgetUnmarked();
+            sweep();
             made = 0;
-            due = Math.max(MIN_DUE, Math.min(live / 2, spareCells()));
+            due = Math.max(MIN_DUE, live / 2);
+            collections++;
         }
 
+        /** Marks a cell, and puts it on the stack, so that what it reaches is marked, too. */
         private void shade(int cell) {
-            int place = cell >> CHUNK_BITS - 2;
-            int index = (cell & CHUNK_CELLS - 1) << 2;
-            if (place < 0 || place >= chunks.length || chunks[place] == null || index >= chunks[place].words.length) {
+            int place = cell >> CHUNK_BITS;
+            int index = (cell & CHUNK_CELLS - 1) << 1;
+            if (cell <= 0 || place >= chunks.length || chunks[place] == null || index >= chunks[place].words.length) {
                 return;
             }
-            int head = chunks[place].words[index];
+            long[] words = chunks[place].words;
+            int head = (int) words[index];
             if ((head & (MARKED | KEPT)) != 0 || (head & KIND_MASK) == FREE) {
                 return;
             }
-            if (stack != null && stacked >= 0 && stacked < stack.length) {
-                chunks[place].words[index] = head | MARKED;
+            boolean hasPlace = stack != null && stacked >= 0 && stacked < stack.length;
+            words[index] |= hasPlace ? MARKED : MARKED | GRAY;
+            if (hasPlace) {
                 stack[stacked] = cell;
                 stacked++;
             } else {
-                chunks[place].words[index] = head | MARKED | GRAY;
                 isStackShort = true;
             }
         }
 
         private void scanStacked() {
-            for (int i = 0; i < MAX_CELLS && stack != null && stacked > 0 && stacked <= stack.length; i++) {
+            for (int i = 0; i < MAX_STEPS && stack != null && stacked > 0 && stacked <= stack.length; i++) {
                 stacked--;
-                scan(stack[stacked]);
+                int cell = stack[stacked];
+                int head = at(cell, HEAD);
+                int cellKind = head & KIND_MASK;
+                int fields = cellKind < REFERENCES.length ? REFERENCES[cellKind] : 0;
+                // The next one of a row is taken from the stack behind the others: so a long row needs little of it.
+                if ((fields & 8) != 0) {
+                    shade(head >>> NOTE_SHIFT);
+                }
+                for (int j = 0; j < 3; j++) {
+                    int field = j == 0 ? 2 : j == 1 ? 1 : 3;
+                    int word = at(cell, field);
+                    boolean isSlot = (fields & 16 << field - 1) != 0 && (word & TAG_MASK) <= QUOTATION;
+                    if (isSlot || (fields & 1 << field - 1) != 0) {
+                        shade(isSlot ? word >>> SLOT_SHIFT : word);
+                    }
+                }
             }
         }
 
         /** Scans the cells for which there was no place on the stack. */
         private void scanGray() {
-            for (int cell = 1; cell < MAX_CELLS; cell++) {
-                if ((cell & CHUNK_CELLS - 1) == 0 && !isOfCells(cell >> CHUNK_BITS - 2)) {
-                    cell += CHUNK_CELLS - 1;
-                } else if ((at(cell, HEAD) & GRAY) != 0) {
+            for (int cell = 1; cell < chunkCount * CHUNK_CELLS; cell++) {
+                if ((at(cell, HEAD) & GRAY) != 0 && stack != null && stack.length > 0) {
                     put(cell, HEAD, at(cell, HEAD) & ~GRAY);
-                    scan(cell);
+                    stack[0] = cell;
+                    stacked = 1;
                     scanStacked();
                 }
             }
         }
 
-        private boolean isOfCells(int chunk) {
-            return chunk >= 0 && chunk < uses.length && uses[chunk] == OF_CELLS;
-        }
-
-        private void scan(int cell) {
-            int head = at(cell, HEAD);
-            int cellKind = head & KIND_MASK;
-            int fields = cellKind < REFERENCES.length ? REFERENCES[cellKind] : 0;
-            // The next one of a row is taken from the stack behind the others: so a long row needs little of it.
-            if ((fields & 2) != 0) {
-                shade(at(cell, NEXT));
-            }
-            if ((fields & 1) != 0) {
-                shade(at(cell, ITEM));
-            }
-            if ((fields & 4) != 0) {
-                shade(at(cell, EXTRA));
-            }
-            if ((fields & 8) != 0) {
-                shade(head >>> NOTE_SHIFT);
-            }
-            if (cellKind == CLOSURE || cellKind == CALL_FRAME) {
-                useCode(at(cell, CODE));
-            }
-        }
-
-        /** Lets the group of code to which an address belongs stay. */
-        private void useCode(int address) {
-            int chunk = address >> CHUNK_BITS;
-            int first = chunk > 0 && chunk < uses.length && uses[chunk] > 0 ? (uses[chunk] & ~IN_USE) - 1 : -1;
-            if (first >= 0 && first < uses.length && uses[first] == first + 1) {
-                uses[first] |= IN_USE;
-                shade(word(first << CHUNK_BITS));
-            }
-        }
-
-        private void sweepCells() {
-            live = 0;
-            free = 0;
-            fresh = 0;
-            freshEnd = 0;
-            for (int chunk = uses.length - 1; chunk >= 0; chunk--) {
-                if (uses[chunk] == OF_CELLS) {
-                    sweepChunk(chunk);
+        private void forgetUnmarked() {
+            for (int i = 0; i < weakCount && i < weak.length; i++) {
+                Row row = weak[i];
+                for (int j = 0; row != null && j < row.used; j++) {
+                    if (row.get(j) != 0 && (at(row.get(j), HEAD) & (MARKED | KEPT)) == 0) {
+                        row.put(j, 0);
+                    }
                 }
             }
         }
 
-        private void sweepChunk(int chunk) {
-            int freeBefore = free;
-            int liveBefore = live;
-            for (int cell = (chunk + 1) * CHUNK_CELLS - 1; cell >= chunk * CHUNK_CELLS && cell > 0; cell--) {
+        private void sweep() {
+            live = 0;
+            free = 0;
+            freeCells = 0;
+            for (int cell = chunkCount * CHUNK_CELLS - 1; cell > 0; cell--) {
                 int head = at(cell, HEAD);
                 if ((head & (MARKED | KEPT)) != 0) {
                     put(cell, HEAD, head & ~MARKED);
@@ -895,258 +836,9 @@ public final class WindwardScheme {
                     put(cell, HEAD, FREE);
                     put(cell, ITEM, free);
                     free = cell;
+                    freeCells++;
                 }
             }
-            if (live == liveBefore) {
-                free = freeBefore;
-                releaseChunk(chunk);
-            }
-        }
-
-        private void sweepCode() {
-            for (int i = 0; i < uses.length; i++) {
-                int group = uses[i] > 0 ? uses[i] & ~IN_USE : 0;
-                if (group > 0 && group <= uses.length && (uses[group - 1] <= 0 || (uses[group - 1] & IN_USE) == 0)) {
-                    releaseChunk(i);
-                }
-            }
-            for (int i = 0; i < uses.length; i++) {
-                uses[i] = uses[i] > 0 ? uses[i] & ~IN_USE : uses[i];
-            }
-        }
-    }
-
-    /**
-     * The code of programs: nodes, each with its kind, how many slots it has, and in which slot of which other node it
-     * stands. A program's nodes stand in one chunk with those of the programs before, or go on in other chunks.
-     */
-    private static final class Code {
-        private static final int HEADER = 4;
-        private static final int PARENT = 1;
-        private static final int INFO = 2;
-        private static final int MORE = 3;
-        private static final int COUNT_SHIFT = 4;
-        private static final int INDEX_SHIFT = 15;
-        private static final int PARTS_MASK = 2047;
-        private static final int BOUND_MASK = 4095;
-
-        private final Heap heap;
-        private int chunk;
-        private int top;
-        private int group;
-        private int chunkBefore;
-        private int topBefore;
-        private int quotedBefore;
-
-        Code(Heap heap) {
-            this.heap = heap;
-            chunk = -1;
-        }
-
-        /** Begins with the code of a program. */
-        void open() {
-            if (heap.groupOf(chunk) != group || group == 0) {
-                chunk = -1;
-                group = 0;
-            }
-            chunkBefore = chunk;
-            topBefore = top;
-            quotedBefore = heap.word(firstWord());
-            heap.openGroup = group;
-        }
-
-        /** Keeps the code; a group that has become larger than a chunk takes no more programs. */
-        void close() {
-            heap.openGroup = 0;
-            chunk = chunk + 1 == group ? chunk : -1;
-        }
-
-        /** Takes the code back, from where it was opened. */
-        void drop() {
-            heap.release(group, chunkBefore);
-            chunk = chunkBefore;
-            top = topBefore;
-            group = chunkBefore < 0 ? 0 : group;
-            if (chunk >= 0) {
-                heap.putWord(firstWord(), quotedBefore);
-            }
-            heap.openGroup = 0;
-        }
-
-        private int firstWord() {
-            return group == 0 ? 0 : group - 1 << CHUNK_BITS;
-        }
-
-        /** Lets a datum stay as long as the code of its group. */
-        void keepQuoted(int datum) {
-            if (group != 0 && !heap.isKept(datum)) {
-                heap.putWord(firstWord(), heap.make(LINK, 0, datum, heap.word(firstWord()), 0));
-            }
-        }
-
-        /** A new node; 0 if there is no room. */
-        int newNode(int nodeKind, int count, int parent, int index, int info) {
-            if (chunk < 0 || top + HEADER + count > CHUNK_WORDS) {
-                chunk = heap.chunkForCode(group);
-                top = 1;
-                if (chunk < 0) {
-                    return 0;
-                }
-                group = heap.groupOf(chunk);
-                heap.openGroup = group;
-            }
-            int node = chunk << CHUNK_BITS | top;
-            top += HEADER + count;
-            heap.putWord(node, nodeKind | count << COUNT_SHIFT | index << INDEX_SHIFT);
-            heap.putWord(node + PARENT, parent);
-            heap.putWord(node + INFO, info);
-            heap.putWord(node + MORE, 0);
-            return node;
-        }
-
-        int kindOf(int node) {
-            return heap.word(node) & 15;
-        }
-
-        boolean isSetting(int node) {
-            return kindOf(node) == SET_LOCAL || kindOf(node) == SET_GLOBAL;
-        }
-
-        int countOf(int node) {
-            return heap.word(node) >> COUNT_SHIFT & PARTS_MASK;
-        }
-
-        int indexOf(int node) {
-            return heap.word(node) >> INDEX_SHIFT & PARTS_MASK;
-        }
-
-        int parentOf(int node) {
-            return heap.word(node + PARENT);
-        }
-
-        int infoOf(int node) {
-            return heap.word(node + INFO);
-        }
-
-        int moreOf(int node) {
-            return heap.word(node + MORE);
-        }
-
-        void setMore(int node, int more) {
-            heap.putWord(node + MORE, more);
-        }
-
-        int slotOf(int node, int index) {
-            return heap.word(node + HEADER + index);
-        }
-
-        void setSlot(int node, int index, int slot) {
-            heap.putWord(node + HEADER + index, slot);
-        }
-
-        static int tagOf(int slot) {
-            return slot & 7;
-        }
-
-        static int contentOf(int slot) {
-            return slot >>> 3;
-        }
-
-        static int localSlot(boolean isRest, int place, int depth) {
-            return LOCAL | (isRest ? 8 : 0) | place << 4 | depth << 15;
-        }
-
-        static boolean isRest(int slot) {
-            return (slot & 8) != 0;
-        }
-
-        static int placeOf(int slot) {
-            return slot >> 4 & PARTS_MASK;
-        }
-
-        static int depthOf(int slot) {
-            return slot >>> 15;
-        }
-
-        static int parametersOf(int info) {
-            return info >> 1 & PARTS_MASK;
-        }
-
-        static boolean hasRest(int info) {
-            return (info & 1) != 0;
-        }
-
-        /** The number of the first variable that a lambda binds. */
-        static int firstVariable(int info) {
-            return info >>> 12;
-        }
-
-        static int lambdaInfo(int parameters, boolean hasRest, int firstVariable) {
-            return firstVariable << 12 | parameters << 1 | (hasRest ? 1 : 0);
-        }
-
-        /** The lambda that binds a variable, which is this many environments out from a node. */
-        int binderOf(int node, int depth) {
-            int around = node;
-            int left = depth;
-            for (int i = 0; i < MAX_LEVEL && around != 0; i++) {
-                boolean isBinding = (heap.word(around) & 15) == LAMBDA && (heap.word(around + INFO) & BOUND_MASK) != 0;
-                if (isBinding && left == 0) {
-                    return around;
-                }
-                left -= isBinding ? 1 : 0;
-                around = heap.word(around + PARENT);
-            }
-            return 0;
-        }
-
-        /** Notes that the variable of a slot is set somewhere; a few others of its lambda seem to be set then, too. */
-        void noteSet(int binder, int slot) {
-            setMore(binder, moreOf(binder) | 1 << placeOf(slot) % 31);
-        }
-
-        boolean isSet(int binder, int slot) {
-            return (heap.word(binder + MORE) >> placeOf(slot) % 31 & 1) != 0;
-        }
-
-        /** Whether a node is the last thing that is done in a body. */
-        boolean isLast(int node) {
-            int inner = node;
-            for (int i = 0; i < MAX_LEVEL; i++) {
-                int around = parentOf(inner);
-                int index = indexOf(inner);
-                int aroundKind = kindOf(around);
-                boolean isEnd = index == countOf(around) - 1;
-                if (aroundKind == LAMBDA || aroundKind == PROGRAM) {
-                    return isEnd;
-                }
-                if (aroundKind == BRANCH ? index == 0 : aroundKind != SEQUENCE || !isEnd) {
-                    return false;
-                }
-                inner = around;
-            }
-            return false;
-        }
-
-        /** Whether a node stands in a part of a call, within its body. */
-        boolean isInCall(int node) {
-            int around = parentOf(node);
-            for (int i = 0; i < MAX_LEVEL; i++) {
-                switch (kindOf(around)) {
-                    case CALL:
-                        return true;
-                    case BRANCH:
-                    case SEQUENCE:
-                    case SET_LOCAL:
-                    case SET_GLOBAL:
-                    case DEFINITION:
-                        around = parentOf(around);
-                        break;
-                    default:
-                        return false;
-                }
-            }
-            return false;
         }
     }
 
@@ -1158,8 +850,7 @@ public final class WindwardScheme {
         private final int[] rests;
         int count;
         private final int[] meanings;
-        private final Row contents; // and behind those of the symbols a tree of the global variables
-        int changes; // of keywords and macros
+        private final Row contents; // values of global variables, literals and rules of macros
 
         Store(Heap heap) {
             this.heap = heap;
@@ -1167,7 +858,7 @@ public final class WindwardScheme {
             firsts = new int[MAX_DATA];
             rests = new int[MAX_DATA];
             meanings = new int[SYMBOLS];
-            contents = heap.newRoots(SYMBOLS + 1);
+            contents = heap.newRoots(SYMBOLS, SYMBOLS);
             for (int symbol = 0; symbol < SYMBOLS; symbol++) {
                 heap.keep(heap.make(SYMBOL, 0, symbol, 0, 0));
             }
@@ -1192,6 +883,18 @@ public final class WindwardScheme {
 
         int cellOf(int datum) {
             return has(datum) && datum < cells.length ? cells[datum] : 0;
+        }
+
+        /** Lets there be room for the cells of a datum. */
+        void makeRoom() {
+            if (heap.freeCells < CHUNK_CELLS) {
+                heap.makeRoom(CHUNK_CELLS, 0);
+            }
+        }
+
+        /** The number of a new number; -1 if there is none left. */
+        int layNumber(long numerator, long denominator) {
+            return lay(fraction(heap, numerator, denominator));
         }
 
         /** Gives a cell that is no pair the next number; -1 if there is none left. */
@@ -1314,7 +1017,7 @@ public final class WindwardScheme {
         }
 
         /** A new number in lowest terms; 0 if there is none or it is out of range. */
-        int fraction(long numerator, long denominator) {
+        static int fraction(Heap heap, long numerator, long denominator) {
             if (denominator == 0) {
                 return 0;
             }
@@ -1365,23 +1068,28 @@ public final class WindwardScheme {
             return heap.kindOf(name) == SYMBOL ? heap.at(name, AMOUNT) : -1;
         }
 
+        /** Whether two names are the same: one symbol, or the same mark on the same name. */
+        boolean areSameNames(int name, int other) {
+            int a = name;
+            int b = other;
+            for (int i = 0;
+                    i < MAX_CELLS
+                            && a != b
+                            && heap.kindOf(a) == RENAMED
+                            && heap.kindOf(b) == RENAMED
+                            && heap.at(a, MARK) == heap.at(b, MARK);
+                    i++) {
+                a = heap.at(a, UNDER);
+                b = heap.at(b, UNDER);
+            }
+            return a == b;
+        }
+
         /** The first cell of a row whose item is the same name as this one; 0 if there is none. */
         int find(int name, int row) {
             int cell = row;
             for (int i = 0; i < MAX_CELLS && cell != 0; i++) {
-                int a = heap.at(cell, ITEM);
-                int b = name;
-                for (int j = 0;
-                        j < MAX_CELLS
-                                && a != b
-                                && heap.kindOf(a) == RENAMED
-                                && heap.kindOf(b) == RENAMED
-                                && heap.at(a, STAMP) == heap.at(b, STAMP);
-                        j++) {
-                    a = heap.at(a, UNDER);
-                    b = heap.at(b, UNDER);
-                }
-                if (a == b) {
+                if (areSameNames(heap.at(cell, ITEM), name)) {
                     return cell;
                 }
                 cell = heap.at(cell, NEXT);
@@ -1400,17 +1108,6 @@ public final class WindwardScheme {
             return heap.kindOf(cell) == EMPTY ? length : -1;
         }
 
-        /** Whether the primitive 21 holds for data that are laid. */
-        boolean areSame(int cell, int other) {
-            if (cell == other) {
-                return true;
-            }
-            return heap.kindOf(cell) == NUMBER
-                    && heap.kindOf(other) == NUMBER
-                    && heap.at(cell, AMOUNT) == heap.at(other, AMOUNT)
-                    && heap.at(cell, DENOMINATOR) == heap.at(other, DENOMINATOR);
-        }
-
         boolean areShapedAlike(int cell, int other) {
             return haveOneShape(cell, other, 0);
         }
@@ -1427,7 +1124,7 @@ public final class WindwardScheme {
                 a = heap.at(a, REST);
                 b = heap.at(b, REST);
             }
-            return areSame(a, b);
+            return heap.areSame(a, b);
         }
 
         int meaningOf(int symbol) {
@@ -1439,11 +1136,6 @@ public final class WindwardScheme {
             return meaningOf(symbol) == VARIABLE ? contents.get(symbol) : 0;
         }
 
-        /** The global variables as they are now: a tree by their symbols. */
-        int globals() {
-            return contents.get(SYMBOLS);
-        }
-
         /** The literals and rules of a macro; 0 if it is none. */
         int rulesOf(int symbol) {
             return meaningOf(symbol) == MACRO ? contents.get(symbol) : 0;
@@ -1453,29 +1145,26 @@ public final class WindwardScheme {
             if (symbol < 0 || symbol >= meanings.length) {
                 return;
             }
-            changes += newMeaning == MACRO || meanings[symbol] == MACRO || meanings[symbol] == KEYWORD ? 1 : 0;
             meanings[symbol] = newMeaning;
             contents.put(symbol, content);
-            if (newMeaning == VARIABLE) {
-                contents.put(SYMBOLS, heap.withLeaf(globals(), symbol, content));
-            }
         }
     }
 
     /** The text, and data and expanded programs written into it; what would be too long leaves it as it was. */
     private static final class Writer {
-        // What is still to be written: a datum, what follows behind a part of a list, the form in a slot of a node, the
-        // forms from a slot on, ")". With a slot its number stands beside.
+        // What is still to be written: a datum, what follows behind a part of a list, a form, the forms from a place in
+        // some parts on, ")", and nothing, but behind the body of a lambda its variables are no longer bound.
         private static final int DATUM = 0;
         private static final int TAIL = 1;
         private static final int FORM = 2;
         private static final int FORMS = 3;
         private static final int CLOSE = 4;
+        private static final int UNBIND = 5;
         private static final int JOB_MASK = 7;
         private static final int MAX_JOBS = 2048;
+        private static final int MOST_MADE = 2048;
 
         private final Heap heap;
-        private final Code code;
         private final Values values;
         private final char[] text;
         int length;
@@ -1484,15 +1173,18 @@ public final class WindwardScheme {
         private final Row jobs;
         private final Row subjects;
         private int waiting;
+        private final Row binders; // the number of the first variable of each lambda around
+        private int bindersAround;
+        private int variables;
 
-        Writer(Heap heap, Code code, Values values) {
+        Writer(Heap heap, Values values) {
             this.heap = heap;
-            this.code = code;
             this.values = values;
             text = new char[MAX_TEXT];
             draft = new char[MAX_TEXT];
-            jobs = new Row(MAX_JOBS);
-            subjects = new Row(MAX_JOBS);
+            jobs = new Row(MAX_JOBS, MAX_JOBS);
+            subjects = new Row(MAX_JOBS, MAX_JOBS);
+            binders = new Row(MAX_LEVEL, MAX_LEVEL);
         }
 
         char signAt(int index) {
@@ -1513,10 +1205,15 @@ public final class WindwardScheme {
             return before;
         }
 
-        /** Writes a datum, or the code of a program: the length of the text; -1 if it would be too long. */
+        /** Writes a datum, or the slot of a program: the length of the text; -1 if it would be too long. */
         int putAll(boolean isProgram, int subject) {
+            if (!isProgram && heap.freeCells < MOST_MADE) {
+                heap.makeRoom(MOST_MADE, 0);
+            }
             drafted = 0;
             waiting = 0;
+            bindersAround = 0;
+            variables = 0;
             later(isProgram ? FORM : DATUM, subject, 0);
             for (int i = 0; i < MAX_CELLS && waiting > 0 && drafted <= MAX_TEXT; i++) {
                 waiting--;
@@ -1530,13 +1227,16 @@ public final class WindwardScheme {
                         putTail(next);
                         break;
                     case FORM:
-                        startForm(next, code.slotOf(next, index));
+                        startForm(next);
                         break;
                     case FORMS:
                         putForms(next, index);
                         break;
-                    default:
+                    case CLOSE:
                         put(')');
+                        break;
+                    default:
+                        bindersAround--;
                 }
             }
             if (drafted > MAX_TEXT) {
@@ -1641,19 +1341,37 @@ public final class WindwardScheme {
             }
         }
 
-        private void putForms(int node, int index) {
-            if (index >= code.countOf(node)) {
+        private void putForms(int parts, int index) {
+            int slot = heap.at(parts, index + 1);
+            if (slot == 0) {
                 put(')');
             } else {
                 put(' ');
-                later(FORMS, node, index + 1);
-                later(FORM, node, index);
+                laterForms(parts, index + 1);
+                later(FORM, slot, 0);
             }
         }
 
-        private void startForm(int node, int slot) {
-            int content = Code.contentOf(slot);
-            switch (Code.tagOf(slot)) {
+        private void laterForms(int parts, int index) {
+            later(FORMS, index < 3 ? parts : heap.noteOf(parts), index % 3);
+        }
+
+        private void startForm(int slot) {
+            int content = slot >>> SLOT_SHIFT;
+            switch (slot & TAG_MASK) {
+                case CALL:
+                    put('(');
+                    laterForms(content, 1);
+                    later(FORM, heap.at(content, 1), 0);
+                    break;
+                case BRANCH:
+                    putWord("(if");
+                    laterForms(content, 0);
+                    break;
+                case SEQUENCE:
+                    putWord("(begin");
+                    laterForms(content, 0);
+                    break;
                 case CONSTANT:
                     later(DATUM, content, 0);
                     break;
@@ -1663,39 +1381,32 @@ public final class WindwardScheme {
                     later(DATUM, content, 0);
                     break;
                 case LOCAL:
-                    putVariable(node, slot);
+                    putVariable(slot);
                     break;
                 case GLOBAL:
                     putNamed('s', content);
                     break;
                 default:
-                    startNode(content);
+                    startOther(content);
             }
         }
 
-        private void putVariable(int node, int slot) {
-            int binder = code.binderOf(node, Code.depthOf(slot));
-            putNamed('x', Code.firstVariable(code.infoOf(binder)) + Code.placeOf(slot));
+        private void putVariable(int slot) {
+            int first = binders.get(bindersAround - 1 - (slot >>> DEPTH_OUT_SHIFT));
+            putNamed('x', first + (slot >> SLOT_SHIFT & PLACE_MASK));
         }
 
-        private void startNode(int node) {
-            int info = code.infoOf(node);
-            int first = 0;
-            switch (code.kindOf(node)) {
-                case CALL:
-                    put('(');
-                    first = 1;
-                    break;
+        private void startOther(int cell) {
+            int info = heap.at(cell, ITEM);
+            switch (heap.kindOf(cell)) {
                 case LAMBDA:
                     putWord("(lambda ");
-                    putParameters(info);
-                    break;
-                case BRANCH:
-                    putWord("(if");
-                    break;
+                    startLambda(info >> 1, (info & 1) != 0);
+                    laterForms(heap.at(cell, NEXT), 0);
+                    return;
                 case SET_LOCAL:
                     putWord("(set ");
-                    putVariable(node, info);
+                    putVariable(info);
                     break;
                 case SET_GLOBAL:
                     putWord("(set ");
@@ -1705,24 +1416,29 @@ public final class WindwardScheme {
                     putWord("(define ");
                     putNamed('s', info);
                     break;
-                case SYNTAX:
+                default:
                     putWord("(define-syntax ");
                     putNamed('s', info);
-                    break;
-                default:
-                    putWord("(begin");
+                    put(')');
+                    return;
             }
-            later(FORMS, node, first);
-            if (first == 1) {
-                later(FORM, node, 0);
-            }
+            put(' ');
+            later(CLOSE, 0, 0);
+            later(FORM, heap.at(cell, NEXT), 0);
         }
 
-        private void putParameters(int info) {
-            int parameters = Code.parametersOf(info);
-            int firstOne = Code.firstVariable(info);
-            if (parameters == 0 && Code.hasRest(info)) {
-                putNamed('x', firstOne);
+        /** Writes the parameters of a lambda, which are bound up to the end of its body. */
+        private void startLambda(int parameters, boolean hasRest) {
+            int first = variables;
+            int bound = parameters + (hasRest ? 1 : 0);
+            variables += bound;
+            if (bound > 0) {
+                binders.put(bindersAround, first);
+                bindersAround++;
+                later(UNBIND, 0, 0);
+            }
+            if (parameters == 0 && hasRest) {
+                putNamed('x', first);
                 return;
             }
             put('(');
@@ -1730,11 +1446,11 @@ public final class WindwardScheme {
                 if (i > 0) {
                     put(' ');
                 }
-                putNamed('x', firstOne + i);
+                putNamed('x', first + i);
             }
-            if (Code.hasRest(info)) {
+            if (hasRest) {
                 putWord(" . ");
-                putNamed('x', firstOne + parameters);
+                putNamed('x', first + parameters);
             }
             put(')');
         }
@@ -1760,9 +1476,9 @@ public final class WindwardScheme {
             pieces = new char[MAX_TEXT];
             tops = new long[MAX_TEXT];
             bottoms = new long[MAX_TEXT];
-            stages = new Row(MAX_TEXT + 1);
-            depths = new Row(MAX_TEXT + 1);
-            parts = new Row(MAX_TEXT + 1);
+            stages = new Row(MAX_TEXT + 1, MAX_TEXT + 1);
+            depths = new Row(MAX_TEXT + 1, MAX_TEXT + 1);
+            parts = new Row(MAX_TEXT + 1, MAX_TEXT + 1);
         }
 
         /** Whether the text is one datum that is not too deep; then needed is how many data it would lay. */
@@ -1966,22 +1682,26 @@ public final class WindwardScheme {
                 case 't':
                     return store.lay(top == 1 ? TRUE_CELL : FALSE_CELL);
                 default:
-                    return store.lay(store.fraction(top, bottoms[index]));
+                    return store.layNumber(top, bottoms[index]);
             }
         }
     }
 
-    /** Macros: whether their patterns are right, what they match, and what templates come to. */
+    /**
+     * Macros: whether their patterns are right, what they match, and what templates come to. A variable that is a row is
+     * bound to the whole list, with the pattern ahead of the ellipsis; so it takes no cells for what is in the list, until
+     * the parts of the list are matched with that pattern, one behind the other.
+     */
     private static final class Macros {
         private final Heap heap;
         private final Store store;
         private long literals;
         private int scope;
-        private boolean isTrial;
-        int matches;
-        private int stamp;
+        private int names;
+        private int bindings; // of the variables of patterns
+        private int mark;
         private int size;
-        private int rows;
+        private int rows; // patterns with what is left of their lists
         private int rowLength;
         private boolean areRowsEven;
 
@@ -1999,10 +1719,10 @@ public final class WindwardScheme {
             for (int i = 0; i < MAX_SIZE && heap.kindOf(rules) == PAIR; i++) {
                 int rule = heap.at(rules, FIRST);
                 int pattern = heap.at(rule, FIRST);
-                matches = 0;
+                names = 0;
                 if (store.lengthOf(rule) != 2
                         || heap.kindOf(pattern) != PAIR
-                        || !collects(heap.at(pattern, REST), 0)) {
+                        || !isRightPattern(heap.at(pattern, REST), 0)) {
                     return false;
                 }
                 rules = heap.at(rules, REST);
@@ -2029,40 +1749,44 @@ public final class WindwardScheme {
             return symbol >= 0 && (literals >> symbol & 1) != 0;
         }
 
-        private boolean isRowEnd(int cell) {
-            return heap.kindOf(cell) == PAIR
-                    && heap.kindOf(heap.at(cell, REST)) == EMPTY
-                    && store.symbolOf(heap.at(cell, FIRST)) == ELLIPSIS_SYMBOL;
+        private boolean isVariable(int symbol) {
+            boolean hasMeaning = symbol == BLANK_SYMBOL || symbol == ELLIPSIS_SYMBOL;
+            return symbol >= 0 && !hasMeaning && (literals >> symbol & 1) == 0;
         }
 
-        /** Puts each variable of a pattern, with an empty row, ahead of the matches; whether the pattern is right. */
-        private boolean collects(int pattern, int level) {
+        /** Whether a list begins with an ellipsis; the ellipsis of a pattern must be all of it. */
+        private boolean isEllipsisAhead(int list, boolean isAll) {
+            return heap.kindOf(list) == PAIR
+                    && store.symbolOf(heap.at(list, FIRST)) == ELLIPSIS_SYMBOL
+                    && (!isAll || heap.at(list, REST) == EMPTY_CELL);
+        }
+
+        /** Whether a pattern is right; its variables come to the names that were there. */
+        private boolean isRightPattern(int pattern, int level) {
             if (level > MAX_LEVEL) {
                 return false;
             }
             int cell = pattern;
             for (int i = 0; i < MAX_SIZE && heap.kindOf(cell) == PAIR; i++) {
-                if (!collects(heap.at(cell, FIRST), level + 1)) {
+                if (!isRightPattern(heap.at(cell, FIRST), level + 1)) {
                     return false;
                 }
                 cell = heap.at(cell, REST);
-                if (isRowEnd(cell)) {
+                if (isEllipsisAhead(cell, true)) {
                     return true;
                 }
             }
             int symbol = store.symbolOf(cell);
-            if (symbol < 0 || symbol == BLANK_SYMBOL || isLiteral(symbol)) {
-                return true;
+            if (!isVariable(symbol)) {
+                return symbol != ELLIPSIS_SYMBOL || isLiteral(symbol);
             }
-            if (symbol == ELLIPSIS_SYMBOL || store.find(cell, matches) != 0) {
-                return false;
-            }
-            matches = heap.make(MATCH, 0, cell, matches, heap.make(ROW, 0, 0, 0, 0));
-            return true;
+            boolean isNew = store.find(cell, names) == 0;
+            names = heap.make(LINK, 0, cell, names, 0);
+            return isNew;
         }
 
-        /** The template of the first rule that fits; 0 if there is none. Then matches are its variables. */
-        int fittingTemplate(int definition, int form, int scopeOfForm) {
+        /** The first rule that fits a form; 0 if there is none. */
+        int fittingRule(int definition, int form, int scopeOfForm) {
             if (!areLiterals(heap.at(definition, FIRST))) {
                 return 0;
             }
@@ -2070,14 +1794,8 @@ public final class WindwardScheme {
             int rules = heap.at(definition, REST);
             for (int i = 0; i < MAX_SIZE && heap.kindOf(rules) == PAIR; i++) {
                 int rule = heap.at(rules, FIRST);
-                int pattern = heap.at(heap.at(rule, FIRST), REST);
-                matches = 0;
-                // Just the rule that fits makes cells for what it matches.
-                isTrial = true;
-                boolean isFitting = isMatch(pattern, heap.at(form, REST), 0);
-                isTrial = false;
-                if (isFitting && isMatch(pattern, heap.at(form, REST), 0)) {
-                    return heap.at(heap.at(rule, REST), FIRST);
+                if (isMatch(heap.at(heap.at(rule, FIRST), REST), heap.at(form, REST), 0)) {
+                    return rule;
                 }
                 rules = heap.at(rules, REST);
             }
@@ -2093,19 +1811,12 @@ public final class WindwardScheme {
             for (int i = 0; i < MAX_SIZE && heap.kindOf(cell) == PAIR; i++) {
                 int item = heap.at(cell, FIRST);
                 cell = heap.at(cell, REST);
-                if (isRowEnd(cell)) {
-                    // Each part of the list is matched by itself; the variables get rows of what they match.
-                    int around = matches;
-                    matches = 0;
-                    boolean isRight = isTrial || collects(item, level + 1);
-                    int rows = matches;
+                if (isEllipsisAhead(cell, true)) {
+                    boolean isRight = true;
                     for (int j = 0; j < MAX_SIZE && isRight && heap.kindOf(part) == PAIR; j++) {
-                        matches = 0;
                         isRight = isMatch(item, heap.at(part, FIRST), level + 1);
-                        addItems(rows);
                         part = heap.at(part, REST);
                     }
-                    matches = joined(rows, around);
                     return isRight && heap.kindOf(part) == EMPTY;
                 }
                 if (heap.kindOf(part) != PAIR || !isMatch(item, heap.at(part, FIRST), level + 1)) {
@@ -2120,57 +1831,54 @@ public final class WindwardScheme {
         private boolean isPlainMatch(int pattern, int part) {
             int symbol = store.symbolOf(pattern);
             if (symbol < 0) {
-                return store.areSame(pattern, part);
+                return heap.areSame(pattern, part);
             }
-            if (symbol == BLANK_SYMBOL) {
+            if (symbol == BLANK_SYMBOL || !isLiteral(symbol)) {
                 return true;
             }
-            if (isLiteral(symbol)) {
-                return store.symbolOf(part) == symbol && store.find(part, scope) == 0;
-            }
-            matches = isTrial ? 0 : heap.make(MATCH, 0, pattern, matches, part);
-            return true;
+            return store.symbolOf(part) == symbol && store.find(part, scope) == 0;
         }
 
-        // The variables stand in the same order in the rows and in the matches, as both come from one pattern.
-        private void addItems(int rows) {
-            int match = matches;
-            int named = rows;
-            for (int i = 0; i < MAX_SIZE && match != 0 && named != 0; i++) {
-                int row = heap.at(named, EXTRA);
-                int link = heap.make(LINK, 0, heap.at(match, EXTRA), 0, 0);
-                if (heap.at(row, ITEM) == 0) {
-                    heap.put(row, ITEM, link);
-                } else {
-                    heap.put(heap.at(row, NEXT), NEXT, link);
-                }
-                heap.put(row, NEXT, link);
-                heap.put(row, EXTRA, heap.at(row, EXTRA) + 1);
-                match = heap.at(match, NEXT);
-                named = heap.at(named, NEXT);
-            }
-        }
-
-        private int joined(int rows, int around) {
-            if (rows == 0) {
-                return around;
-            }
-            int last = rows;
-            for (int i = 0; i < MAX_SIZE && heap.at(last, NEXT) != 0; i++) {
-                last = heap.at(last, NEXT);
-            }
-            heap.put(last, NEXT, around);
-            return rows;
-        }
-
-        /** What a template comes to, by a new mark; 0 if it is wrong. */
-        int filled(int template, int matches) {
-            stamp++;
+        /** Binds the variables of a rule that fits; its template. */
+        int templateOf(int rule, int form) {
+            mark++;
             size = 0;
-            return build(template, matches, 0);
+            bindings = 0;
+            bind(heap.at(heap.at(rule, FIRST), REST), heap.at(form, REST), 0, 0);
+            return heap.at(heap.at(rule, REST), FIRST);
         }
 
-        private int build(int template, int matches, int level) {
+        /** Binds the variables of a pattern; below an ellipsis all of them to its list, with the pattern of its row. */
+        private void bind(int pattern, int form, int rowPattern, int level) {
+            int cell = pattern;
+            int part = form;
+            boolean isRow = rowPattern != 0;
+            for (int i = 0; i < MAX_SIZE && heap.kindOf(cell) == PAIR && level <= MAX_LEVEL; i++) {
+                int item = heap.at(cell, FIRST);
+                cell = heap.at(cell, REST);
+                if (isEllipsisAhead(cell, true)) {
+                    bind(item, part, isRow ? rowPattern : item, level + 1);
+                    return;
+                }
+                bind(item, isRow ? form : heap.at(part, FIRST), rowPattern, level + 1);
+                part = isRow ? form : heap.at(part, REST);
+            }
+            if (isVariable(store.symbolOf(cell))) {
+                bindings = heap.make(BINDING, rowPattern, cell, bindings, part);
+            }
+        }
+
+        /** Gives back the bindings up to these. */
+        private void unbind(int outer) {
+            for (int i = 0; i < MAX_CELLS && bindings != outer && bindings != 0; i++) {
+                int next = heap.at(bindings, NEXT);
+                heap.release(bindings);
+                bindings = next;
+            }
+        }
+
+        /** What a template comes to with the variables that are bound; 0 if it is wrong. */
+        int build(int template, int level) {
             if (level > MAX_LEVEL) {
                 return 0;
             }
@@ -2179,26 +1887,22 @@ public final class WindwardScheme {
             for (int i = 0; i < MAX_SIZE && heap.kindOf(cell) == PAIR; i++) {
                 int part = heap.at(cell, FIRST);
                 cell = heap.at(cell, REST);
-                if (isEllipsisAhead(cell)) {
+                if (isEllipsisAhead(cell, false)) {
                     cell = heap.at(cell, REST);
-                    parts = buildRow(part, matches, parts, level + 1);
+                    parts = buildRow(part, parts, level + 1);
                 } else {
-                    parts = added(build(part, matches, level + 1), parts);
+                    parts = added(build(part, level + 1), parts);
                 }
                 if (parts < 0) {
                     return 0;
                 }
             }
-            int whole = leaf(cell, matches);
+            int whole = leaf(cell);
             for (int i = 0; i < MAX_SIZE && parts != 0 && whole != 0; i++) {
                 whole = store.pairOf(heap.at(parts, ITEM), whole, MAX_MADE_DEPTH);
                 parts = heap.at(parts, NEXT);
             }
             return whole;
-        }
-
-        private boolean isEllipsisAhead(int cell) {
-            return heap.kindOf(cell) == PAIR && store.symbolOf(heap.at(cell, FIRST)) == ELLIPSIS_SYMBOL;
         }
 
         /** The parts with one more; -1 if it is wrong or there is too much of it. */
@@ -2207,59 +1911,67 @@ public final class WindwardScheme {
             return part == 0 || size > MAX_SIZE ? -1 : heap.make(LINK, 0, part, parts, 0);
         }
 
-        private int leaf(int cell, int matches) {
+        private int leaf(int cell) {
             int made = cell;
             if (store.isName(cell)) {
-                int match = store.find(cell, matches);
-                made = match != 0 ? heap.at(match, EXTRA) : heap.make(RENAMED, 0, cell, stamp, 0);
+                int binding = store.find(cell, bindings);
+                if (heap.noteOf(binding) != 0) {
+                    return 0;
+                }
+                made = binding != 0 ? heap.at(binding, EXTRA) : heap.makeShared(RENAMED, 0, cell, mark, 0);
             }
             size += store.measureOf(made) & SIZE_MASK;
-            return heap.kindOf(made) == ROW || size > MAX_SIZE ? 0 : made;
+            return size > MAX_SIZE ? 0 : made;
         }
 
         /** The parts with those that a template comes to for the items of its rows; -1 if that is wrong. */
-        private int buildRow(int template, int matches, int before, int level) {
+        private int buildRow(int template, int before, int level) {
             rows = 0;
             areRowsEven = true;
-            addRows(template, matches, level);
-            int named = rows;
-            if (named == 0 || !areRowsEven) {
+            addRows(template, level);
+            int mine = rows;
+            if (mine == 0 || !areRowsEven) {
                 return -1;
             }
             int count = rowLength;
+            int outer = bindings;
             int parts = before;
             for (int i = 0; i < count && parts >= 0; i++) {
-                parts = added(build(template, withItems(named, matches), level), parts);
+                int row = mine;
+                for (int j = 0; j < MAX_SIZE && row != 0; j++) {
+                    int list = heap.at(row, EXTRA);
+                    bind(heap.at(row, ITEM), heap.at(list, FIRST), 0, level);
+                    heap.put(row, EXTRA, heap.at(list, REST));
+                    row = heap.at(row, NEXT);
+                }
+                parts = added(build(template, level), parts);
+                unbind(outer);
             }
             return parts;
         }
 
-        /** The matches with the next item of each row ahead of them. */
-        private int withItems(int named, int matches) {
-            int inner = matches;
-            int row = named;
-            for (int i = 0; i < MAX_SIZE && row != 0; i++) {
-                int link = heap.at(row, EXTRA);
-                inner = heap.make(MATCH, 0, heap.at(row, ITEM), inner, heap.at(link, ITEM));
-                heap.put(row, EXTRA, heap.at(link, NEXT));
-                row = heap.at(row, NEXT);
-            }
-            return inner;
-        }
-
-        /** Puts the variables in a template that are rows ahead of the rows, each with its first link. */
-        private void addRows(int template, int matches, int level) {
+        /** Puts the rows of the variables in a template ahead of the rows that were there. */
+        private void addRows(int template, int level) {
             int cell = template;
             for (int i = 0; i < MAX_SIZE && heap.kindOf(cell) == PAIR && level <= MAX_LEVEL; i++) {
-                addRows(heap.at(cell, FIRST), matches, level + 1);
+                addRows(heap.at(cell, FIRST), level + 1);
                 cell = heap.at(cell, REST);
             }
-            int row = store.isName(cell) ? heap.at(store.find(cell, matches), EXTRA) : 0;
-            if (heap.kindOf(row) == ROW && store.find(cell, rows) == 0) {
-                int length = heap.at(row, EXTRA);
+            int binding = store.isName(cell) ? store.find(cell, bindings) : 0;
+            int pattern = heap.noteOf(binding);
+            int list = heap.at(binding, EXTRA);
+            int row = pattern == 0 ? 0 : rows;
+            for (int i = 0; i < MAX_SIZE && row != 0; i++) {
+                if (heap.at(row, ITEM) == pattern && heap.at(row, EXTRA) == list) {
+                    return;
+                }
+                row = heap.at(row, NEXT);
+            }
+            if (pattern != 0) {
+                int length = store.lengthOf(list);
                 areRowsEven = areRowsEven && (rows == 0 || rowLength == length);
                 rowLength = length;
-                rows = heap.make(MATCH, 0, cell, rows, heap.at(row, ITEM));
+                rows = heap.make(BINDING, 0, pattern, rows, list);
             }
         }
     }
@@ -2267,99 +1979,133 @@ public final class WindwardScheme {
     /** Makes code of programs. The forms that are around the one at hand are a stack, one level for each. */
     private static final class Expander {
         private static final int LEVELS = 104;
+        private static final int WHOLE = 0;
+        private static final int OPENED = -1; // in place of a slot, as long as its parts are still to be expanded
 
         private final Heap heap;
         private final Store store;
-        private final Code code;
+        private final Values values;
         private final Macros macros;
         // For each level: the forms that are still to be expanded, the names that are bound there, what came out of a
-        // macro in place of the form at hand, the node to which the forms belong, and the slot of the next one.
+        // macro in place of the form at hand; what the forms belong to: the tag of a slot or the kind of a cell, a field
+        // of that cell, and where their slots begin.
         private final Row lists;
         private final Row scopes;
         private final Row outcomes;
-        private final Row nodes;
-        private final Row slots;
+        private final Row kinds;
+        private final Row infos;
+        private final Row starts;
         private int level;
+        private final Row slots;
+        private int anew; // pairs of a datum that were made anew
+        private int anewCount;
         int used;
         char letter; // what was wrong
-        private int variables;
 
-        Expander(Heap heap, Store store, Code code) {
+        Expander(Heap heap, Store store, Values values) {
             this.heap = heap;
             this.store = store;
-            this.code = code;
+            this.values = values;
             macros = new Macros(heap, store);
-            lists = heap.newRoots(LEVELS);
-            scopes = heap.newRoots(LEVELS);
-            outcomes = heap.newRoots(LEVELS);
-            nodes = new Row(LEVELS);
-            slots = new Row(LEVELS);
+            lists = heap.newRoots(LEVELS, LEVELS);
+            scopes = heap.newRoots(LEVELS, LEVELS);
+            outcomes = heap.newRoots(LEVELS, LEVELS);
+            kinds = new Row(LEVELS, LEVELS);
+            infos = new Row(LEVELS, LEVELS);
+            starts = new Row(LEVELS, LEVELS);
+            slots = heap.newSlotRoots(16, MAX_ROW);
         }
 
-        /** The code of a program; 0 if it is wrong. Then used tells how many expansions of macros there were. */
+        /** The slot of a program; 0 if it is wrong. Then used tells how many expansions of macros there were. */
         int expand(int program) {
             used = 0;
-            variables = 0;
-            level = -1;
             letter = 'x';
-            code.open();
-            int root = code.newNode(PROGRAM, 1, 0, 0, 0);
-            openLevel(EMPTY_CELL, 0, root);
+            level = -1;
+            slots.used = 0;
+            openLevel(WHOLE, 0, EMPTY_CELL, 0);
             outcomes.put(0, program);
-            boolean isRight = hasRoom(root != 0);
+            boolean isRight = true;
             for (int i = 0; i < MAX_STEPS && isRight && level >= 0; i++) {
-                if (heap.isDue() || heap.isFull()) {
-                    heap.collect();
-                }
-                int form = nextForm();
+                isRight = makeRoom(SLACK);
+                int form = isRight ? nextForm() : 0;
                 int symbol = keywordOrMacro(form);
-                if (!hasRoom(!heap.isFull())) {
-                    isRight = false;
-                } else if (form == 0) {
-                    level--;
-                } else if (store.meaningOf(symbol) == MACRO) {
-                    int template = macros.fittingTemplate(store.rulesOf(symbol), form, scopes.get(level));
-                    isRight = template != 0 && used < MAX_EXPANSIONS;
+                if (isRight && form == 0) {
+                    closeLevel();
+                } else if (isRight && store.meaningOf(symbol) == MACRO) {
+                    int rule = macros.fittingRule(store.rulesOf(symbol), form, scopes.get(level));
+                    outcomes.put(level, form);
+                    isRight = rule != 0 && used < MAX_EXPANSIONS && makeRoom(2 * SLACK + cellsFor(rule));
                     used += isRight ? 1 : 0;
-                    outcomes.put(level, isRight ? macros.filled(template, macros.matches) : 0);
+                    outcomes.put(level, isRight ? macros.build(macros.templateOf(rule, form), 0) : 0);
                     isRight = outcomes.get(level) != 0;
-                } else {
-                    // Nothing that stands in a slot is 0, as there is no node and no cell 0.
-                    int here = level;
+                } else if (isRight) {
                     int slot = symbol >= 0 ? keywordForm(symbol, form) : plainForm(form);
-                    code.setSlot(nodes.get(here), slots.get(here), slot);
-                    slots.put(here, slots.get(here) + 1);
                     isRight = slot != 0;
+                    if (slot > 0) {
+                        slots.add(slot);
+                    }
                 }
             }
             lists.fillWithZeros();
             scopes.fillWithZeros();
             outcomes.fillWithZeros();
-            if (isRight) {
-                code.close();
-            } else {
-                code.drop();
+            slots.used = 0;
+            return isRight ? slots.get(0) : 0;
+        }
+
+        /** As many cells as the variables of a rule are bound in at once: again below each ellipsis around. */
+        private int cellsFor(int rule) {
+            int measure = store.measureOf(rule);
+            return (measure & SIZE_MASK) * (measure >> DEPTH_SHIFT & DEPTH_MASK);
+        }
+
+        private boolean makeRoom(int cells) {
+            if (heap.freeCells < cells && !heap.makeRoom(cells, RESERVE / 2)) {
+                letter = 'o';
             }
-            return isRight ? root : 0;
+            return letter == 'x';
         }
 
-        /** Takes back the code that was made last. */
-        void forget() {
-            code.drop();
-        }
-
-        private boolean hasRoom(boolean isSo) {
-            letter = isSo ? letter : 'o';
-            return isSo;
-        }
-
-        private void openLevel(int forms, int scope, int node) {
+        private void openLevel(int kind, int info, int forms, int scope) {
             level++;
             lists.put(level, forms);
             scopes.put(level, scope);
             outcomes.put(level, 0);
-            nodes.put(level, node);
-            slots.put(level, 0);
+            kinds.put(level, kind);
+            infos.put(level, info);
+            starts.put(level, slots.used);
+        }
+
+        /** Puts the slot of a form in place of those of its parts, which have all been expanded. */
+        private void closeLevel() {
+            int kind = kinds.get(level);
+            int first = starts.get(level);
+            if (level > 0) {
+                int slot;
+                if (kind == CALL || kind == BRANCH || kind == SEQUENCE) {
+                    slot = kind | partsFrom(first) << SLOT_SHIFT;
+                } else {
+                    int inner = kind == LAMBDA ? partsFrom(first) : slots.get(first);
+                    slot = OTHER | heap.makeShared(kind, 0, infos.get(level), inner, 0) << SLOT_SHIFT;
+                }
+                slots.used = first;
+                slots.add(slot);
+            }
+            lists.put(level, 0);
+            scopes.put(level, 0);
+            level--;
+        }
+
+        /** The slots from one on, in cells of three. */
+        private int partsFrom(int first) {
+            int parts = 0;
+            for (int i = (slots.used - first + 2) / 3 * 3 - 3; i >= 0; i -= 3) {
+                int at = first + i;
+                int other = at + 1 < slots.used ? slots.get(at + 1) : 0;
+                int third = at + 2 < slots.used ? slots.get(at + 2) : 0;
+                parts = heap.makeShared(PARTS, parts, slots.get(at), other, third);
+            }
+            return parts;
         }
 
         /** The next form of the level; 0 if there is none. */
@@ -2388,21 +2134,20 @@ public final class WindwardScheme {
             return meaning == KEYWORD || meaning == MACRO ? symbol : -1;
         }
 
-        /** The slot of a form without a keyword, while its parts are still to be expanded; 0 if it is wrong. */
+        /** The slot of a form without a keyword; 0 if it is wrong. */
         private int plainForm(int form) {
             int formKind = heap.kindOf(form);
             if (formKind == NUMBER || formKind == TRUTH) {
-                return CONSTANT | form << 3;
+                return CONSTANT | form << SLOT_SHIFT;
             }
-            int count = formKind == PAIR ? store.lengthOf(form) : -1;
-            if (count >= 0) {
-                return around(CALL, count, form, scopes.get(level), 0);
+            if (formKind == PAIR && store.lengthOf(form) > 0) {
+                return around(CALL, 0, form, scopes.get(level));
             }
             return store.isName(form) ? variable(form) : 0;
         }
 
-        // A scope notes the place of its name among the parameters, whether that is the rest, and whether the scope is
-        // the last one of its lambda, so that the next one belongs to a lambda further out.
+        // A scope notes the place of its name among the parameters, and whether it is the last one of its lambda, so that
+        // the next one belongs to a lambda further out.
         private int variable(int name) {
             int scope = scopes.get(level);
             int bound = store.find(name, scope);
@@ -2412,22 +2157,20 @@ public final class WindwardScheme {
                     depth += heap.noteOf(scope) & 1;
                     scope = heap.at(scope, NEXT);
                 }
-                int note = heap.noteOf(bound);
-                return Code.localSlot((note & 2) != 0, note >> 2, depth);
+                return LOCAL | heap.noteOf(bound) >> 1 << SLOT_SHIFT | depth << DEPTH_OUT_SHIFT;
             }
             int symbol = store.symbolOf(name);
             int meaning = store.meaningOf(symbol);
-            return meaning == KEYWORD || meaning == MACRO ? 0 : GLOBAL | symbol << 3;
+            return meaning == KEYWORD || meaning == MACRO ? 0 : GLOBAL | symbol << SLOT_SHIFT;
         }
 
-        /** The slot of a node for forms; 0 if they would be within too many others. */
-        private int around(int nodeKind, int count, int forms, int scope, int info) {
+        /** Begins with the forms in another one; 0 if they would be within too many others. */
+        private int around(int kind, int info, int forms, int scope) {
             if (level >= MAX_FORMS_AROUND) {
                 return 0;
             }
-            int node = code.newNode(nodeKind, count, nodes.get(level), slots.get(level), info);
-            openLevel(forms, scope, node);
-            return hasRoom(node != 0) ? NODE | node << 3 : 0;
+            openLevel(kind, info, forms, scope);
+            return OPENED;
         }
 
         private int keywordForm(int keyword, int form) {
@@ -2439,46 +2182,37 @@ public final class WindwardScheme {
             boolean isWhole = level == 0;
             switch (keyword) {
                 case QUOTE_SYMBOL:
-                    return count == 1 ? QUOTATION | withoutMarks(first) << 3 : 0;
+                    return count == 1 ? QUOTATION | withoutMarks(first) << SLOT_SHIFT : 0;
                 case IF_SYMBOL:
-                    return count == 2 || count == 3 ? around(BRANCH, count, parts, scope, 0) : 0;
+                    return count == 2 || count == 3 ? around(BRANCH, 0, parts, scope) : 0;
                 case LAMBDA_SYMBOL:
-                    return count >= 2 ? lambdaForm(first, behind, count - 1) : 0;
+                    return count >= 2 ? lambdaForm(first, behind) : 0;
                 case DEFINE_SYMBOL:
                     return count == 2 && isWhole && store.isName(first)
-                            ? around(DEFINITION, 1, behind, scope, store.symbolOf(first))
+                            ? around(DEFINITION, store.symbolOf(first), behind, scope)
                             : 0;
                 case SET_SYMBOL:
                     return count == 2 && store.isName(first) ? setForm(variable(first), behind) : 0;
                 case BEGIN_SYMBOL:
-                    return count >= 1 ? around(SEQUENCE, count, parts, scope, 0) : 0;
+                    return count >= 1 ? around(SEQUENCE, 0, parts, scope) : 0;
                 default:
                     return count >= 2 && isWhole && store.isName(first) && macros.areRules(behind)
-                            ? syntax(store.symbolOf(first), behind)
+                            ? OTHER | heap.makeShared(SYNTAX, 0, store.symbolOf(first), behind, 0) << SLOT_SHIFT
                             : 0;
             }
-        }
-
-        private int syntax(int symbol, int rules) {
-            int node = code.newNode(SYNTAX, 0, nodes.get(level), slots.get(level), symbol);
-            code.setMore(node, rules);
-            code.keepQuoted(rules);
-            return hasRoom(node != 0) ? NODE | node << 3 : 0;
         }
 
         private int setForm(int variable, int forms) {
             if (variable == 0) {
                 return 0;
             }
-            boolean isLocal = Code.tagOf(variable) == LOCAL;
-            if (isLocal) {
-                code.noteSet(code.binderOf(nodes.get(level), Code.depthOf(variable)), variable);
-            }
-            int target = isLocal ? variable : Code.contentOf(variable);
-            return around(isLocal ? SET_LOCAL : SET_GLOBAL, 1, forms, scopes.get(level), target);
+            boolean isLocal = (variable & TAG_MASK) == LOCAL;
+            return isLocal
+                    ? around(SET_LOCAL, variable, forms, scopes.get(level))
+                    : around(SET_GLOBAL, variable >>> SLOT_SHIFT, forms, scopes.get(level));
         }
 
-        private int lambdaForm(int parameters, int body, int bodyCount) {
+        private int lambdaForm(int parameters, int body) {
             int names = 0;
             int count = 0;
             int cell = parameters;
@@ -2496,32 +2230,29 @@ public final class WindwardScheme {
                 return 0;
             }
             int outer = scopes.get(level);
-            int scope = hasRest ? heap.make(SCOPE, count << 2 | 3, cell, outer, 0) : outer;
+            int scope = hasRest ? heap.make(SCOPE, count << 1 | 1, cell, outer, 0) : outer;
             for (int i = count - 1; i >= 0; i--) {
-                scope = heap.make(SCOPE, i << 2 | (scope == outer ? 1 : 0), heap.at(names, ITEM), scope, 0);
+                scope = heap.make(SCOPE, i << 1 | (scope == outer ? 1 : 0), heap.at(names, ITEM), scope, 0);
                 names = heap.at(names, NEXT);
             }
-            int info = Code.lambdaInfo(count, hasRest, variables);
-            variables += hasRest ? count + 1 : count;
-            int slot = around(LAMBDA, bodyCount, body, scope, info);
-            return slot == 0 ? 0 : CLOSED | slot;
+            return around(LAMBDA, count << 1 | (hasRest ? 1 : 0), body, scope);
         }
 
         /** A quoted datum with all marks taken off; each pair with a mark in it is made anew once. */
         private int withoutMarks(int datum) {
-            int anew = heap.make(LINK, 0, 0, 0, 0);
-            int plain = plainOf(datum, anew, 0);
-            int link = heap.at(anew, NEXT);
-            for (int i = 0; i < MAX_CELLS && link != 0; i++) {
-                heap.setNote(heap.at(link, ITEM), 0);
-                link = heap.at(link, NEXT);
+            anew = 0;
+            anewCount = 0;
+            int plain = plainOf(datum, 0);
+            for (int i = 0; i < MAX_SIZE && anew != 0; i++) {
+                heap.setNote(heap.at(anew, ITEM), 0);
+                anew = heap.at(anew, NEXT);
             }
-            code.keepQuoted(plain);
-            return plain;
+            return heap.kindOf(plain) == COPIED ? values.madeAnew(plain) : plain;
         }
 
-        // A pair that has been made anew bears, until the form is done, a note of the new one.
-        private int plainOf(int datum, int anew, int depth) {
+        // A pair that has been made anew bears, until the form is done, a note of the new one. By its number each of them
+        // differs from the others of its datum, while like data of other forms are made of the same cells.
+        private int plainOf(int datum, int depth) {
             int pairs = 0;
             int cell = datum;
             for (int i = 0; i < MAX_SIZE && isToBeMadeAnew(cell); i++) {
@@ -2534,9 +2265,11 @@ public final class WindwardScheme {
             }
             for (int i = 0; i < MAX_SIZE && pairs != 0 && depth <= MAX_LEVEL; i++) {
                 int old = heap.at(pairs, ITEM);
-                plain = heap.make(PAIR, 0, plainOf(heap.at(old, FIRST), anew, depth + 1), plain, 0);
+                int first = plainOf(heap.at(old, FIRST), depth + 1);
+                plain = heap.makeShared(COPIED, anewCount, first, plain, 0);
+                anewCount++;
                 heap.setNote(old, plain);
-                heap.put(anew, NEXT, heap.make(LINK, 0, old, heap.at(anew, NEXT), 0));
+                anew = heap.make(LINK, 0, old, anew, 0);
                 pairs = heap.at(pairs, NEXT);
             }
             return plain;
@@ -2564,320 +2297,505 @@ public final class WindwardScheme {
     }
 
     /**
-     * What variables, parts of calls and parts of lists come to, and the primitives that come to a value at once.
+     * Rows of values, variables, lists, and the primitives that come to a value at once.
      *
-     * <p>A part of a call that needs no call itself is not kept when it is evaluated. It is found again when it is asked
-     * for: from the code, the environment, and the variables as they were. A VIEW is a list that looks like the parts of
-     * a call from one on, or like another list, but is a list of its own: so nothing is copied.
+     * <p>A few values in a row are held as they are. More of them are packed, since a run can hold hundreds ahead of
+     * each application: as runs of values that are like others of the row, or like those of an earlier row from the same
+     * place, its base; just the others are held. A closure that was made where the row was is like one of its base if it
+     * has the same code, the environment of the first closure made there, and was made as long after that one.
+     *
+     * <p>A VIEW is a list that looks like a row of values from a place on, like another list, or like a datum whose pairs
+     * are made anew; but it is a list of its own by its stamp. So nothing is copied.
      */
     private static final class Values {
-        private static final int MAX_TESTS = 3;
+        private static final int MOST_PLAIN = 8;
+        private static final int MOST_WITH_BASE = 2048;
+        private static final int MAX_CHAIN = 128;
+        private static final int MIN_CHAIN = 8;
+        private static final int MAX_TOKENS = 4096;
+        private static final int WINDOW = 16;
+        private static final int LASTS = 256;
+        private static final int STAMPS = 65536;
+        private static final int KINDS = 4;
+        private static final int MOST_MISSES = 2;
+        // What a run is: values of its own, those of the row some places back, those of the base some places on, with
+        // closures made anew or as they are. SAMPLE is no run: the first value of its own is the first closure made there.
+        private static final int LITERAL = 0;
+        private static final int SELF = 1;
+        private static final int COPY = 2;
+        private static final int RAW = 3;
+        private static final int SAMPLE = 4;
+        private static final int MODE_MASK = 7;
+        private static final int MODE_SHIFT = 3;
 
         private final Heap heap;
-        private final Store store;
-        private final Code code;
-        // What was around when the part that is looked for was evaluated.
-        private int seenEnvironment;
-        private int seenEvents;
-        private int seenGlobals;
-        private int seenSettings;
-        private int seenTime;
-        // Where the last value that was looked for is found: a part of the call of a frame.
-        int spotFrame;
-        int spotIndex;
+        private int stamps;
+        // The row that is packed, and what its base comes to.
+        private Row from;
+        private int start;
+        private int count;
+        private int sample;
+        private Row known;
+        private int knownSample;
+        private final Row[] knowns; // what some packed rows come to: the last ones of each kind of place, and one looked for
+        private final Row knownOf;
+        private int knownWhen;
+        private final Row tokens; // mode, length and offset of each run
+        private final Row literals;
+        private final Row lasts; // the packed rows that can be bases, by their place
+        private final Row lastKeys;
+        private final Row chain; // a row, its base, the base of that, ..
+        private final Row[] drafts; // what two of them come to: values, and the environments and stamps of closures
+        private final Row variables;
+        private int missed; // the row in which a variable was looked for last, and how often
+        private int misses;
 
-        Values(Heap heap, Store store, Code code) {
+        Values(Heap heap) {
             this.heap = heap;
-            this.store = store;
-            this.code = code;
+            knowns = new Row[KINDS + 1];
+            for (int i = 0; i < knowns.length; i++) {
+                knowns[i] = new Row(16, MOST_WITH_BASE);
+            }
+            knownOf = new Row(KINDS + 1, KINDS + 1);
+            tokens = new Row(16, 4 * MAX_TOKENS);
+            literals = new Row(16, MAX_ROW);
+            lasts = heap.newWeakRow(LASTS);
+            lastKeys = new Row(LASTS, LASTS);
+            chain = new Row(16, 2 * MAX_CHAIN);
+            drafts = new Row[6];
+            for (int i = 0; i < drafts.length; i++) {
+                drafts[i] = new Row(16, MOST_WITH_BASE);
+            }
+            variables = new Row(16, MAX_SIZE);
         }
 
-        /** Looks for parts of a call that is not applied yet. */
-        void see(int environment, int events, int time) {
-            seenEnvironment = environment;
-            seenEvents = events;
-            seenGlobals = store.globals();
-            seenSettings = heap.at(environment, EXTRA);
-            seenTime = time;
+        int nextStamp() {
+            stamps++;
+            return stamps;
         }
 
-        private void seeFrame(int frame) {
-            int state = heap.at(frame, EXTRA);
-            seenEnvironment = heap.at(state, ITEM);
-            seenEvents = heap.at(state, NEXT);
-            seenGlobals = heap.at(state, EXTRA);
-            seenSettings = heap.noteOf(state);
-            seenTime = heap.noteOf(frame);
-        }
+        // ---- rows of values
 
-        /** Whether a part of a call that has just been evaluated can be found again. */
-        boolean isFoundAgain(int call, int part) {
-            int inner = Code.contentOf(code.slotOf(call, part));
-            return code.kindOf(inner) != CALL && valueAt(call, part, 0) != 0;
-        }
-
-        /**
-         * The value of a part of a call, or of a test, that has been evaluated, from what is seen; 0 if it was not kept and
-         * is not found without calls and settings. The level is the number of tests around.
-         */
-        int valueAt(int startNode, int startIndex, int level) {
-            int node = startNode;
-            int index = startIndex;
-            for (int i = 0; i < MAX_CELLS; i++) {
-                int kept = code.kindOf(node) == CALL ? savedValue(node, index) : 0;
-                if (kept != 0) {
-                    return kept;
+        /** A row of some values of another one; 0 if there are none. The key tells where it comes from, and its kind. */
+        int pack(Row row, int first, int length, int key, int environment) {
+            if (length <= MOST_PLAIN) {
+                return plain(row, first, length);
+            }
+            from = row;
+            start = first;
+            count = length;
+            sample = 0;
+            for (int i = first; i < first + length && sample == 0; i++) {
+                boolean isMadeHere = heap.kindOf(row.get(i)) == CLOSURE && heap.at(row.get(i), AROUND) == environment;
+                sample = isMadeHere ? row.get(i) : 0;
+            }
+            boolean canBeBase = length <= MOST_WITH_BASE;
+            int place = (key ^ key >>> 8) & LASTS - 1;
+            int base = canBeBase && lastKeys.get(place) == key ? lasts.get(place) : 0;
+            int bases = countBases(base);
+            if (bases >= MIN_CHAIN && (bases & bases - 1) == 0) {
+                // A row without a base ends the chain, if it does not hold too much.
+                learn(0, 0);
+                findRuns();
+                base = literals.used <= bases || bases >= MAX_CHAIN ? 0 : base;
+            }
+            int kind = key & KINDS - 1;
+            learn(base, kind);
+            findRuns();
+            int runs = 0;
+            for (int i = tokens.used - 3; i >= 0; i -= 3) {
+                runs = heap.makeShared(RUN, tokens.get(i + 1) << MODE_SHIFT | tokens.get(i), tokens.get(i + 2), runs, 0);
+            }
+            int packed = heap.make(PACKED, length, base, runs, plain(literals, 0, literals.used));
+            if (canBeBase) {
+                lastKeys.put(place, key);
+                lasts.put(place, packed);
+                knownOf.put(kind, packed);
+                knowns[kind].used = 0;
+                for (int i = first; i < first + length; i++) {
+                    knowns[kind].add(row.get(i));
                 }
-                int slot = leafSlot(node, index, level);
-                int content = slot >>> 3;
-                switch (slot & 7) {
-                    case LOCAL:
+            }
+            return packed;
+        }
+
+        private int plain(Row row, int first, int length) {
+            int items = 0;
+            for (int i = (length + 2) / 3 * 3 - 3; i >= 0; i -= 3) {
+                int other = i + 1 < length ? row.get(first + i + 1) : 0;
+                int third = i + 2 < length ? row.get(first + i + 2) : 0;
+                items = heap.make(ITEMS, items, row.get(first + i), other, third);
+            }
+            return items;
+        }
+
+        /** Lets the chain be a row, its base, and so on, up to one without a base; how many they are. */
+        private int countBases(int packed) {
+            int row = packed;
+            chain.used = 0;
+            for (int i = 0; i < 2 * MAX_CHAIN && row != 0; i++) {
+                chain.add(row);
+                row = heap.at(row, ITEM);
+            }
+            return chain.used;
+        }
+
+        /** The first closure that was made where a packed row was; 0 if there is none. */
+        private int sampleOf(int packed) {
+            return heap.noteOf(heap.at(packed, NEXT)) == SAMPLE ? heap.at(heap.at(packed, EXTRA), ITEM) : 0;
+        }
+
+        /** Looks at the values of a base, which is the last row of this kind or another one. */
+        private void learn(int base, int kind) {
+            known = knowns[kind];
+            knownSample = sampleOf(base);
+            if (base == 0 || base != knownOf.get(kind) || knownWhen != heap.collections) {
+                forget();
+                knownOf.put(kind, base);
+                known.used = base == 0 ? 0 : heap.noteOf(base);
+                unpack(base, known.used, known);
+            }
+        }
+
+        /** Forgets what rows come to, if a collection came in between. */
+        private void forget() {
+            if (knownWhen != heap.collections) {
+                knownWhen = heap.collections;
+                knownOf.fillWithZeros();
+            }
+        }
+
+        private void addToken(int mode, int length, int offset) {
+            int at = tokens.used;
+            tokens.put(at, mode);
+            tokens.put(at + 1, length);
+            tokens.put(at + 2, offset);
+            tokens.used = at + 3;
+        }
+
+        private void findRuns() {
+            tokens.used = 0;
+            literals.used = 0;
+            if (sample != 0) {
+                addToken(SAMPLE, 0, 0);
+                literals.add(sample);
+            }
+            int shift = 0;
+            int length;
+            for (int i = 0; i < count; i += Math.max(1, length)) {
+                int mode = SELF;
+                int offset = 1;
+                length = i == 0 ? 0 : ownLength(i, 1);
+                for (int back = 2; back <= WINDOW && back <= i && length == 0; back++) {
+                    length = ownLength(i, back);
+                    offset = back;
+                }
+                // What was a few places away is looked for around where the last run was.
+                int tries = length > 0 ? 1 : 2 * known.used + 1;
+                for (int j = 0; j < tries && known.used > 0; j++) {
+                    int near = (j & 1) == 0 ? shift + j / 2 : shift - (j + 1) / 2;
+                    int copied = knownLength(i, near, true);
+                    int raw = copied > 0 || sample == 0 || knownSample == 0 ? 0 : knownLength(i, near, false);
+                    if (copied + raw > length) {
+                        mode = copied > 0 ? COPY : RAW;
+                        length = copied + raw;
+                        offset = near;
+                    }
+                    if (copied + raw > 0) {
+                        shift = near;
                         break;
-                    case GLOBAL:
-                        return heap.leaf(seenGlobals, content);
-                    case CLOSED:
-                        return heap.make(CLOSURE, 0, content, seenEnvironment, seenTime);
+                    }
+                }
+                if (length > 0 && tokens.used < 3 * MAX_TOKENS) {
+                    addToken(mode, length, offset);
+                } else {
+                    length = 1;
+                    addLiteral(from.get(start + i));
+                }
+            }
+        }
+
+        private void addLiteral(int value) {
+            int last = tokens.used - 3;
+            if (tokens.used > 0 && tokens.get(last) == LITERAL) {
+                tokens.put(last + 1, tokens.get(last + 1) + 1);
+            } else {
+                addToken(LITERAL, 1, 0);
+            }
+            literals.add(value);
+        }
+
+        /** How many values from a place on are like those some places back. */
+        private int ownLength(int place, int back) {
+            int length = 0;
+            for (int i = start + place; i < start + count && heap.areSame(from.get(i), from.get(i - back)); i++) {
+                length++;
+            }
+            return length;
+        }
+
+        /** How many values from a place on are like those of the base some places on. */
+        private int knownLength(int place, int shift, boolean areRenewed) {
+            int length = 0;
+            for (int i = place; i < count && i + shift >= 0 && i + shift < known.used; i++) {
+                int value = from.get(start + i);
+                int old = known.get(i + shift);
+                int later = heap.at(old, STAMP) - heap.at(knownSample, STAMP);
+                boolean isRenewed = areRenewed
+                        && sample != 0
+                        && knownSample != 0
+                        && heap.kindOf(old) == CLOSURE
+                        && heap.at(old, AROUND) == heap.at(knownSample, AROUND)
+                        && later >= 0
+                        && later < STAMPS;
+                boolean isLike = isRenewed
+                        ? heap.kindOf(value) == CLOSURE
+                                && heap.at(value, CODE) == heap.at(old, CODE)
+                                && heap.at(value, AROUND) == heap.at(sample, AROUND)
+                                && heap.at(value, STAMP) - heap.at(sample, STAMP) == later
+                        : heap.areSame(value, old);
+                if (!isLike) {
+                    return length;
+                }
+                length++;
+            }
+            return length;
+        }
+
+        int countOf(int row) {
+            if (heap.kindOf(row) == PACKED) {
+                return heap.noteOf(row);
+            }
+            int items = row;
+            int before = 0;
+            for (int i = 0; i < MAX_ROW && heap.noteOf(items) != 0; i++) {
+                items = heap.noteOf(items);
+                before += 3;
+            }
+            return before + (heap.at(items, 3) != 0 ? 3 : heap.at(items, 2) != 0 ? 2 : heap.at(items, 1) != 0 ? 1 : 0);
+        }
+
+        /** A value of a row that is held plainly. */
+        private int plainValue(int row, int index) {
+            int items = row;
+            for (int i = 0; i < index / 3; i++) {
+                items = heap.noteOf(items);
+            }
+            return heap.at(items, index % 3 + 1);
+        }
+
+        /** What a packed row comes to, if that is known; otherwise null. */
+        private Row knownValues(int row) {
+            for (int i = 0; i < knowns.length && knownWhen == heap.collections; i++) {
+                if (knownOf.get(i) == row) {
+                    return knowns[i];
+                }
+            }
+            return null;
+        }
+
+        /** A value of a packed row, which is found through its bases. */
+        private int packedValue(int row, int index) {
+            int at = row;
+            int place = index;
+            chain.used = 0;
+            for (int step = 0; step < MAX_ROW && heap.kindOf(at) == PACKED; step++) {
+                int run = heap.at(at, NEXT);
+                int own = heap.noteOf(run) == SAMPLE ? 1 : 0;
+                run = own == 1 ? heap.at(run, NEXT) : run;
+                int begin = 0;
+                for (int i = 0; i < MAX_ROW && run != 0 && place >= begin + (heap.noteOf(run) >> MODE_SHIFT); i++) {
+                    int length = heap.noteOf(run) >> MODE_SHIFT;
+                    begin += length;
+                    own += (heap.noteOf(run) & MODE_MASK) == LITERAL ? length : 0;
+                    run = heap.at(run, NEXT);
+                }
+                int offset = heap.at(run, ITEM);
+                switch (heap.noteOf(run) & MODE_MASK) {
+                    case LITERAL:
+                        at = heap.at(at, EXTRA);
+                        place += own - begin;
+                        break;
+                    case SELF:
+                        place = offset > 0 ? begin - offset + (place - begin) % offset : 0;
+                        break;
+                    case COPY:
+                        chain.add(at);
+                        at = heap.at(at, ITEM);
+                        place += offset;
+                        break;
                     default:
-                        return content;
+                        at = heap.at(at, ITEM);
+                        place += offset;
                 }
-                boolean isOwn = Code.depthOf(slot) == 0;
-                int around = isOwn ? seenEnvironment : outer(seenEnvironment, Code.depthOf(slot));
-                int set = isOwn ? heap.leaf(seenSettings, Code.placeOf(slot)) : 0;
-                int found = set != 0 ? set : argumentOf(around, slot);
-                if (found != 0) {
-                    return found;
-                }
-                seeFrame(spotFrame);
-                node = heap.at(spotFrame, ITEM);
-                index = spotIndex;
             }
-            return 0;
-        }
-
-        // A branch or sequence whose value is found again comes to one of the slots in it. To see which one, its tests are
-        // looked for again, too; a test that would need too many tests in others is not, so that all of it stays short.
-        private int leafSlot(int startNode, int startIndex, int level) {
-            int node = startNode;
-            int index = startIndex;
-            for (int i = 0; i < MAX_LEVEL; i++) {
-                int slot = code.slotOf(node, index);
-                int inner = Code.contentOf(slot);
-                if (Code.tagOf(slot) != NODE) {
-                    int depth = Code.tagOf(slot) == LOCAL && code.kindOf(node) != CALL ? Code.depthOf(slot) : 0;
-                    // A variable further out that is set somewhere may be another one when it is looked for again.
-                    return depth > 0 && code.isSet(code.binderOf(node, depth), slot) ? 0 : slot;
-                }
-                switch (code.kindOf(inner)) {
-                    case BRANCH:
-                        int test = level < MAX_TESTS ? testOf(inner, level + 1) : 0;
-                        index = test == FALSE_CELL ? 2 : 1;
-                        if (test == 0 || index >= code.countOf(inner)) {
-                            return test == 0 ? 0 : CONSTANT | NOTHING_CELL << 3;
-                        }
-                        break;
-                    case SEQUENCE:
-                        index = code.countOf(inner) - 1;
-                        for (int j = 0; j < index; j++) {
-                            if (Code.tagOf(code.slotOf(inner, j)) == NODE) {
-                                return 0;
-                            }
-                        }
-                        break;
-                    case SET_LOCAL:
-                    case SET_GLOBAL:
-                        // It was done ahead of any branch, and so comes to nothing in particular whatever it sets.
-                        return node == startNode ? CONSTANT | NOTHING_CELL << 3 : 0;
-                    default:
-                        return 0;
-                }
-                node = inner;
+            for (int i = 0; i < place / 3; i++) {
+                at = heap.noteOf(at);
             }
-            return 0;
+            int value = heap.at(at, place % 3 + 1);
+            return chain.used > 0 && heap.kindOf(value) == CLOSURE ? renewed(value) : value;
         }
 
-        /** The value of the test of a branch; what is seen stays as it was. */
-        private int testOf(int branch, int level) {
-            int environment = seenEnvironment;
-            int globals = seenGlobals;
-            int settings = seenSettings;
-            int seen = seenTime;
-            int test = valueAt(branch, 0, level);
-            seenEnvironment = environment;
-            seenGlobals = globals;
-            seenSettings = settings;
-            seenTime = seen;
-            return test;
-        }
-
-        /** The value of a variable now. */
-        int valueOf(int slot, int environment) {
-            int around = outer(environment, Code.depthOf(slot));
-            int set = heap.leaf(heap.at(around, EXTRA), Code.placeOf(slot));
-            int found = set != 0 ? set : argumentOf(around, slot);
-            if (found != 0) {
-                return found;
+        /** A closure as it is in the first row of the chain, from how it is in the last one's base. */
+        private int renewed(int closure) {
+            int around = heap.at(closure, AROUND);
+            int stamp = heap.at(closure, STAMP);
+            for (int i = chain.used - 1; i >= 0; i--) {
+                int sampleNow = sampleOf(chain.get(i));
+                int sampleThen = sampleOf(heap.at(chain.get(i), ITEM));
+                int later = stamp - heap.at(sampleThen, STAMP);
+                boolean isMadeThere = sampleNow != 0 && sampleThen != 0 && around == heap.at(sampleThen, AROUND);
+                if (isMadeThere && later >= 0 && later < STAMPS) {
+                    around = heap.at(sampleNow, AROUND);
+                    stamp = heap.at(sampleNow, STAMP) + later;
+                }
             }
-            seeFrame(spotFrame);
-            return valueAt(heap.at(spotFrame, ITEM), spotIndex, 0);
+            return heap.make(CLOSURE, 0, heap.at(closure, CODE), around, stamp);
         }
 
-        int outer(int environment, int depth) {
+        /** Lets the values of a row be those of another one from its begin on. */
+        void unpack(int row, int length, Row into) {
+            if (heap.kindOf(row) != PACKED) {
+                int items = row;
+                for (int i = 0; i < length; i++) {
+                    into.put(i, heap.at(items, i % 3 + 1));
+                    items = i % 3 < 2 ? items : heap.noteOf(items);
+                }
+                return;
+            }
+            int bases = countBases(row);
+            for (int i = bases - 1; i >= 0; i--) {
+                int base = chain.get(i + 1);
+                unpackOne(chain.get(i), i % 2 * 3, bases == 1 ? into : drafts[i % 2 * 3], i < bases - 1 ? sampleOf(base) : 0);
+            }
+            for (int i = 0; i < length && bases > 1; i++) {
+                int value = drafts[0].get(i);
+                boolean isAsItWas = heap.at(value, AROUND) == drafts[1].get(i) && heap.at(value, STAMP) == drafts[2].get(i);
+                if (heap.kindOf(value) == CLOSURE && !isAsItWas) {
+                    value = heap.make(CLOSURE, 0, heap.at(value, CODE), drafts[1].get(i), drafts[2].get(i));
+                }
+                into.put(i, value);
+            }
+        }
+
+        /** Lets three drafts, the first of which is told, be what a packed row comes to, from the three of its base. */
+        private void unpackOne(int packed, int drafted, Row values, int sampleThen) {
+            Row arounds = drafts[drafted + 1];
+            Row stampsOf = drafts[drafted + 2];
+            int items = heap.at(packed, EXTRA);
+            int run = heap.at(packed, NEXT);
+            int own = heap.noteOf(run) == SAMPLE ? 1 : 0;
+            int sampleNow = own == 1 ? heap.at(items, 1) : 0;
+            int place = 0;
+            for (int i = 0; i < MAX_ROW && run != 0; i++) {
+                int mode = heap.noteOf(run) & MODE_MASK;
+                int end = place + (heap.noteOf(run) >> MODE_SHIFT);
+                int offset = mode == SELF ? -heap.at(run, ITEM) : heap.at(run, ITEM);
+                for (; place < end; place++) {
+                    int other = mode == SELF ? drafted : 3 - drafted;
+                    int value = mode == SELF ? values.get(place + offset) : drafts[other].get(place + offset);
+                    int around = drafts[other + 1].get(place + offset);
+                    int stamp = drafts[other + 2].get(place + offset);
+                    int later = stamp - heap.at(sampleThen, STAMP);
+                    if (mode == LITERAL) {
+                        value = heap.at(items, own % 3 + 1);
+                        around = heap.at(value, AROUND);
+                        stamp = heap.at(value, STAMP);
+                        items = own % 3 < 2 ? items : heap.noteOf(items);
+                        own++;
+                    } else if (mode == COPY
+                            && sampleThen != 0
+                            && sampleNow != 0
+                            && heap.kindOf(value) == CLOSURE
+                            && around == heap.at(sampleThen, AROUND)
+                            && later >= 0
+                            && later < STAMPS) {
+                        around = heap.at(sampleNow, AROUND);
+                        stamp = heap.at(sampleNow, STAMP) + later;
+                    }
+                    values.put(place, value);
+                    arounds.put(place, around);
+                    stampsOf.put(place, stamp);
+                }
+                run = heap.at(run, NEXT);
+            }
+        }
+
+        // ---- variables
+
+        private int outer(int environment, int slot) {
             int around = environment;
-            for (int i = 0; i < depth; i++) {
+            for (int i = slot >>> DEPTH_OUT_SHIFT; i > 0; i--) {
                 around = heap.at(around, NEXT);
             }
             return around;
         }
 
-        /**
-         * The value of a part of a call, if it was kept. If not, it is 0, and what is seen goes back to what was around
-         * when the part was evaluated: ahead of the calls and settings in parts behind it.
-         */
-        private int savedValue(int call, int index) {
-            int event = seenEvents;
-            for (int i = 0; i < MAX_CELLS && event != 0; i++) {
-                int eventKind = heap.kindOf(event);
-                int before = heap.at(event, NEXT);
-                int node = eventKind == SAVED ? heap.at(event, EXTRA)
-                        : eventKind == RESUMED ? heap.at(before, ITEM) : heap.noteOf(event);
-                // How many nodes out the call is: a value is one of its parts if it is 0 or, for the value of a call, 1.
-                int steps = 0;
-                int part = eventKind == SAVED && node == call ? heap.noteOf(event) : -1;
-                for (; steps < MAX_LEVEL && node != 0 && node != call && part < 0; steps++) {
-                    int parent = heap.word(node + Code.PARENT);
-                    part = parent == call ? heap.word(node) >> Code.INDEX_SHIFT & Code.PARTS_MASK : -1;
-                    node = parent;
-                }
-                if (index == part && steps == (eventKind == SAVED ? 0 : 1) && eventKind != CHANGED) {
-                    return heap.at(event, ITEM);
-                }
-                if (part < 0 || eventKind != SAVED && index >= part) {
-                    return 0;
-                }
-                if (eventKind == RESUMED) {
-                    seeFrame(before);
-                } else if (eventKind == CHANGED) {
-                    seenGlobals = heap.at(event, ITEM);
-                    seenSettings = heap.at(event, EXTRA);
-                }
-                event = eventKind == RESUMED ? seenEvents : before;
-            }
-            return 0;
+        private static int placeOf(int slot) {
+            return slot >> SLOT_SHIFT & PLACE_MASK;
         }
 
-        /** An argument in an environment; 0 if it is found as the part spotIndex of the call of spotFrame. */
-        private int argumentOf(int environment, int slot) {
-            int from = heap.at(environment, ITEM);
-            int place = Code.placeOf(slot);
-            boolean isRest = Code.isRest(slot);
-            switch (heap.kindOf(environment)) {
-                case CALL_ENVIRONMENT:
-                    spotFrame = from;
-                    spotIndex = place + 1;
-                    if (!isRest) {
-                        return 0;
-                    }
-                    boolean hasExtra = countOf(from) > spotIndex;
-                    return hasExtra ? heap.make(VIEW, 0, from, 0, spotIndex) : EMPTY_CELL;
-                case LIST_ENVIRONMENT:
-                    int behind = behind(from, place);
-                    if (!isRest) {
-                        return behind == 0 ? 0 : heap.at(behind, FIRST);
-                    }
-                    boolean isEnd = behind == EMPTY_CELL;
-                    int base = behind == 0 ? spotFrame : behind;
-                    return isEnd ? EMPTY_CELL : heap.make(VIEW, 0, base, environment, behind == 0 ? spotIndex : 0);
-                case ONE_ENVIRONMENT:
-                    return from;
-                default:
-                    int items = from;
-                    for (int i = 0; i < place / 2; i++) {
-                        items = heap.at(items, NEXT);
-                    }
-                    return heap.at(items, place % 2 == 0 ? ITEM : EXTRA);
+        int variable(int environment, int slot) {
+            int around = outer(environment, slot);
+            int row = heap.at(around, ITEM);
+            if (heap.kindOf(around) == ONE_ENVIRONMENT) {
+                return row;
+            }
+            if (heap.kindOf(row) != PACKED) {
+                return plainValue(row, placeOf(slot));
+            }
+            Row values = knownValues(row);
+            if (values != null) {
+                return values.get(placeOf(slot));
+            }
+            // A row in which many variables are looked for is unpacked once for all of them.
+            misses = row == missed ? misses + 1 : 0;
+            missed = row;
+            if (misses > MOST_MISSES) {
+                forget();
+                knownOf.put(KINDS, row);
+                unpack(row, heap.noteOf(row), knowns[KINDS]);
+            }
+            return packedValue(row, placeOf(slot));
+        }
+
+        /** Sets a variable: then its row is held plainly. */
+        void setVariable(int environment, int slot, int value) {
+            int around = outer(environment, slot);
+            if (heap.kindOf(around) == ONE_ENVIRONMENT) {
+                heap.put(around, ITEM, value);
+                return;
+            }
+            int row = heap.at(around, ITEM);
+            if (heap.kindOf(row) == PACKED) {
+                int length = heap.noteOf(row);
+                unpack(row, length, literals);
+                row = plain(literals, 0, length);
+                heap.put(around, ITEM, row);
+            }
+            int place = placeOf(slot);
+            for (int i = 0; i < place / 3; i++) {
+                row = heap.noteOf(row);
+            }
+            heap.put(row, place % 3 + 1, value);
+        }
+
+        /** Packs the rows of the variables around that were set, so that environments that wait stay small. */
+        void packVariables(int environment) {
+            int around = environment;
+            for (int i = 0; i < MAX_LEVEL && around != 0; i++) {
+                int row = heap.at(around, ITEM);
+                boolean isPlain = heap.kindOf(around) == ENVIRONMENT && heap.kindOf(row) == ITEMS;
+                int length = isPlain ? countOf(row) : 0;
+                if (length > MOST_PLAIN && heap.freeCells > SLACK / 4 * 3) {
+                    unpack(row, length, variables);
+                    heap.put(around, ITEM, pack(variables, 0, length, heap.at(around, EXTRA) << 2 | 3, environment));
+                }
+                around = heap.at(around, NEXT);
             }
         }
 
-        /**
-         * What is left of a list behind this many parts, if it is a pair or the empty list; 0 if it is what is left of
-         * the parts of the call of spotFrame, from spotIndex on.
-         */
-        private int behind(int list, int count) {
-            int cell = list;
-            int left = count;
-            for (int i = 0; i < MAX_CELLS; i++) {
-                int base = heap.kindOf(cell) == VIEW ? heap.at(cell, ITEM) : cell;
-                if (heap.kindOf(base) == CALL_FRAME) {
-                    spotFrame = base;
-                    spotIndex = heap.at(cell, EXTRA) + left;
-                    int parts = heap.word(heap.at(base, ITEM)) >> Code.COUNT_SHIFT & Code.PARTS_MASK;
-                    return spotIndex < parts ? 0 : EMPTY_CELL;
-                }
-                if (left == 0 || heap.kindOf(base) != PAIR) {
-                    return base;
-                }
-                cell = heap.at(base, REST);
-                left--;
-            }
-            return EMPTY_CELL;
-        }
-
-        /** How many parts the call of a frame has. */
-        private int countOf(int frame) {
-            return heap.word(heap.at(frame, ITEM)) >> Code.COUNT_SHIFT & Code.PARTS_MASK;
-        }
-
-        /** The number of parts of a list; -1 if it does not end with the empty list. */
-        int lengthOf(int list) {
-            int length = 0;
-            int cell = list;
-            for (int i = 0; i < MAX_CELLS; i++) {
-                int base = heap.kindOf(cell) == VIEW ? heap.at(cell, ITEM) : cell;
-                if (heap.kindOf(base) == CALL_FRAME) {
-                    return length + countOf(base) - heap.at(cell, EXTRA);
-                }
-                if (heap.kindOf(base) != PAIR) {
-                    return base == EMPTY_CELL ? length : -1;
-                }
-                cell = heap.at(base, REST);
-                length++;
-            }
-            return -1;
-        }
-
-        /** A part of a list; 0 if it is found as the part spotIndex of the call of spotFrame, which is seen now. */
-        int partOf(int list, int index) {
-            int behind = behind(list, index);
-            if (behind == 0) {
-                seeFrame(spotFrame);
-            }
-            return heap.at(behind, FIRST);
-        }
-
-        /** A new list like what is left of a list behind this many parts. */
-        int copyFrom(int list, int count) {
-            int behind = behind(list, count);
-            int whose = heap.make(LINK, 0, 0, 0, 0);
-            boolean isOfCall = behind == 0;
-            int base = isOfCall ? spotFrame : behind;
-            return behind == EMPTY_CELL ? behind : heap.make(VIEW, 0, base, whose, isOfCall ? spotIndex : 0);
-        }
-
-        /** Through how many calls a part of a list may have to be looked for. */
-        int distanceOfList(int list) {
-            int cell = list;
-            for (int i = 0; i < MAX_CELLS; i++) {
-                int base = heap.kindOf(cell) == VIEW ? heap.at(cell, ITEM) : cell;
-                if (heap.kindOf(base) == CALL_FRAME) {
-                    return heap.noteOf(heap.at(heap.at(base, EXTRA), ITEM)) + 1;
-                }
-                if (heap.kindOf(base) != PAIR) {
-                    return 0;
-                }
-                cell = heap.at(base, REST);
-            }
-            return 0;
-        }
+        // ---- lists
 
         boolean isPair(int cell) {
             int cellKind = heap.kindOf(cell);
@@ -2885,59 +2803,114 @@ public final class WindwardScheme {
         }
 
         int firstOf(int pair) {
-            int base = heap.kindOf(pair) == VIEW ? heap.at(pair, ITEM) : pair;
-            if (heap.kindOf(base) == PAIR) {
-                return heap.at(base, FIRST);
+            int base = heap.at(pair, ITEM);
+            if (heap.kindOf(pair) == PAIR) {
+                return base;
             }
-            seeFrame(base);
-            return valueAt(heap.at(base, ITEM), heap.at(pair, EXTRA), 0);
+            int place = heap.at(pair, NEXT);
+            switch (heap.kindOf(base)) {
+                case PAIR:
+                    return heap.at(base, FIRST);
+                case COPIED:
+                    int part = heap.at(base, FIRST);
+                    return heap.kindOf(part) == COPIED ? heap.make(VIEW, 0, part, place, place) : part;
+                case PACKED:
+                    Row values = knownValues(base);
+                    return values == null ? packedValue(base, place) : values.get(place);
+                default:
+                    return plainValue(base, place);
+            }
         }
 
+        // The place in a datum whose pairs are made anew is its stamp; so a copy of such a list has two different ones.
         int restOf(int pair) {
-            if (heap.kindOf(pair) != VIEW) {
+            if (heap.kindOf(pair) == PAIR) {
                 return heap.at(pair, REST);
             }
             int base = heap.at(pair, ITEM);
-            int whose = heap.at(pair, NEXT);
-            if (heap.kindOf(base) == CALL_FRAME) {
-                int index = heap.at(pair, EXTRA) + 1;
-                return index < countOf(base) ? heap.make(VIEW, 0, base, whose, index) : EMPTY_CELL;
-            }
+            int place = heap.at(pair, NEXT);
+            int stamp = heap.at(pair, STAMP);
             int rest = heap.at(base, REST);
-            if (heap.kindOf(rest) == VIEW) {
-                return heap.make(VIEW, 0, heap.at(rest, ITEM), whose, heap.at(rest, EXTRA));
+            switch (heap.kindOf(base)) {
+                case PAIR:
+                    return stampedAs(rest, stamp);
+                case COPIED:
+                    if (heap.kindOf(rest) == COPIED) {
+                        return heap.make(VIEW, 0, rest, place, stamp);
+                    }
+                    return place == stamp ? rest : stampedAs(rest, stamp);
+                default:
+                    return place + 1 < countOf(base) ? heap.make(VIEW, 0, base, place + 1, stamp) : EMPTY_CELL;
             }
-            return heap.kindOf(rest) == PAIR ? heap.make(VIEW, 0, rest, whose, 0) : rest;
         }
 
-        /** Whether the primitive 21 holds. Closures and views may be made again whenever they are looked for. */
-        private boolean areSame(int one, int other) {
-            int cellKind = heap.kindOf(one);
-            if ((cellKind == CLOSURE || cellKind == VIEW) && heap.kindOf(other) == cellKind) {
-                return heap.at(one, 1) == heap.at(other, 1)
-                        && heap.at(one, 2) == heap.at(other, 2)
-                        && heap.at(one, 3) == heap.at(other, 3);
+        /** A list like this one with a stamp. */
+        private int stampedAs(int list, int stamp) {
+            switch (heap.kindOf(list)) {
+                case PAIR:
+                    return heap.make(VIEW, 0, list, 0, stamp);
+                case VIEW:
+                    return heap.make(VIEW, 0, heap.at(list, ITEM), heap.at(list, NEXT), stamp);
+                default:
+                    return list;
             }
-            return store.areSame(one, other);
         }
 
-        /** What a primitive but first comes to; below 0 is an error: minus its letter. */
+        int copyOf(int list) {
+            return stampedAs(list, nextStamp());
+        }
+
+        /** A new list of the values of a row. */
+        int listOf(int row) {
+            return heap.make(VIEW, 0, row, 0, nextStamp());
+        }
+
+        /** A datum whose pairs are made anew, once for this call. */
+        int madeAnew(int copied) {
+            int stamp = nextStamp();
+            return heap.make(VIEW, 0, copied, stamp, stamp);
+        }
+
+        /** The number of parts of a list; -1 if it does not end with the empty list. */
+        int lengthOf(int list) {
+            int cell = list;
+            int length = 0;
+            for (int i = 0; i < MAX_STEPS; i++) {
+                int place = 0;
+                if (heap.kindOf(cell) == VIEW) {
+                    place = heap.at(cell, NEXT);
+                    cell = heap.at(cell, ITEM);
+                }
+                int cellKind = heap.kindOf(cell);
+                if (cellKind == ITEMS || cellKind == PACKED) {
+                    return length + countOf(cell) - place;
+                }
+                if (cellKind != PAIR && cellKind != COPIED) {
+                    return cellKind == EMPTY ? length : -1;
+                }
+                length++;
+                cell = heap.at(cell, REST);
+            }
+            return -1;
+        }
+
+        // ---- primitives
+
+        /** What a primitive comes to, but for first and rest; below 0 is an error: minus its letter. */
         int answer(int symbol, int one, int other) {
             switch (symbol) {
                 case 16:
                     return heap.make(PAIR, 0, one, other, 0);
-                case 18:
-                    return isPair(one) ? restOf(one) : -'t';
                 case 19:
                     return truthCell(isPair(one));
                 case 20:
                     return truthCell(one == EMPTY_CELL);
                 case 21:
-                    return truthCell(areSame(one, other));
+                    return truthCell(heap.areSame(one, other));
                 case 25:
                     return truthCell(one == FALSE_CELL);
                 default:
-                    return reckon(symbol, one, other);
+                    return heap.kindOf(one) == NUMBER && heap.kindOf(other) == NUMBER ? reckon(symbol, one, other) : -'t';
             }
         }
 
@@ -2947,9 +2920,6 @@ public final class WindwardScheme {
 
         /** The primitives of numbers. No product of two parts in range is over 10 to the 18th: nothing wraps around. */
         private int reckon(int symbol, int one, int other) {
-            if (heap.kindOf(one) != NUMBER || heap.kindOf(other) != NUMBER) {
-                return -'t';
-            }
             long a = heap.at(one, AMOUNT);
             long b = heap.at(one, DENOMINATOR);
             long c = heap.at(other, AMOUNT);
@@ -2957,19 +2927,19 @@ public final class WindwardScheme {
             int number;
             switch (symbol) {
                 case 10:
-                    number = store.fraction(a * d + c * b, b * d);
+                    number = Store.fraction(heap, a * d + c * b, b * d);
                     break;
                 case 11:
-                    number = store.fraction(a * d - c * b, b * d);
+                    number = Store.fraction(heap, a * d - c * b, b * d);
                     break;
                 case 12:
-                    number = store.fraction(a * c, b * d);
+                    number = Store.fraction(heap, a * c, b * d);
                     break;
                 case 13:
                     if (c == 0) {
                         return -'z';
                     }
-                    number = store.fraction(a * d, b * c);
+                    number = Store.fraction(heap, a * d, b * c);
                     break;
                 case 14:
                     return truthCell(a * d < c * b);
@@ -2981,52 +2951,316 @@ public final class WindwardScheme {
     }
 
     /**
-     * The run at hand. A body is evaluated slot by slot; a value goes to the slot for which it is, and at the end of a
-     * body to the frame that waits for it; when the parts of a call have been evaluated, it is applied.
+     * The body of a procedure, or the program, that is evaluated at hand: the forms in it that wait for a part, and the
+     * values of the parts of calls up to now. What is the last thing in the body waits for nothing.
      */
-    private static final class Machine {
-        private static final byte[] ARGUMENTS = {2, 2, 2, 2, 2, 2, 2, 1, 1, 1, 1, 2, 1, 3, 2, 1, 2, 1, 2, 1};
-        // What is next: to evaluate a slot, to take its value, to give a value to a frame, to apply a procedure.
-        private static final int EVALUATE = 0;
-        private static final int TAKE = 1;
-        private static final int RETURN = 2;
-        private static final int APPLY = 3;
-        // What the arguments are: the parts of the call at hand, the parts of the value, which is a list, the value, none.
-        private static final int OF_CALL = 0;
-        private static final int OF_LIST = 1;
-        private static final int OF_ONE = 2;
-        private static final int OF_NONE = 3;
-        private static final int REGISTERS = 7;
-        private static final int MIN_DISTANCE = 12;
+    private static final class Body {
+        // What is next: to evaluate the form, to take the value, to apply a procedure.
+        static final int EVALUATE = 0;
+        static final int TAKE = 1;
+        static final int APPLY = 2;
+        private static final int PLACE_SHIFT = 2;
+        private static final int PLACE_PARTS = 3;
+        private static final int BASE_SHIFT = 13;
 
         private final Heap heap;
         private final Store store;
-        private final Code code;
+        private final Values values;
+        // For each form that waits: its slot, where the cell is that with the part at hand; where its values begin and
+        // which part of that cell it is; its path, if that was looked for.
+        private final Row cursors;
+        private final Row places;
+        private final Row paths;
+        private int level;
+        final Row stack; // used as far as there are values
+        int start; // where the procedure to be applied is, with its arguments behind it
+        int mode;
+        int value;
+        int environment;
+        private int form;
+        char letter; // of an error, or 0
+        private final Row saved;
+        private final Row savedForm;
+
+        Body(Heap heap, Store store, Values values) {
+            this.heap = heap;
+            this.store = store;
+            this.values = values;
+            cursors = heap.newSlotRoots(MAX_LEVEL, MAX_LEVEL);
+            places = new Row(MAX_LEVEL, MAX_LEVEL);
+            paths = heap.newRoots(MAX_LEVEL, MAX_LEVEL);
+            stack = heap.newRoots(16, MAX_ROW);
+            saved = heap.newRoots(2, 2);
+            savedForm = heap.newSlotRoots(1, 1);
+            reset();
+        }
+
+        private void reset() {
+            level = -1;
+            stack.used = 0;
+            start = 0;
+        }
+
+        /** Begins to evaluate a form by itself. */
+        void startWith(int slot, int around) {
+            reset();
+            environment = around;
+            form = slot;
+            mode = EVALUATE;
+            letter = 0;
+        }
+
+        /** Ends with a value, or 0. */
+        void end(int last) {
+            startWith(0, 0);
+            value = last;
+            mode = TAKE;
+        }
+
+        boolean isDone() {
+            return level < 0;
+        }
+
+        /** Lets the heap see what is in use. */
+        void save() {
+            cursors.used = level + 1;
+            paths.used = level + 1;
+            saved.put(0, value);
+            saved.put(1, environment);
+            savedForm.put(0, form);
+        }
+
+        /** Lets a value be what the form at hand came to. */
+        void give(int answer) {
+            value = answer;
+            mode = TAKE;
+        }
+
+        /** Lets a procedure be applied without arguments, as long as none are pushed. */
+        void applyLater(int procedure) {
+            reset();
+            stack.add(procedure);
+            mode = APPLY;
+        }
+
+        // ---- evaluation
+
+        void evaluate() {
+            int content = form >>> SLOT_SHIFT;
+            switch (form & TAG_MASK) {
+                case CALL:
+                case BRANCH:
+                    open(form, heap.at(content, 1));
+                    break;
+                case SEQUENCE:
+                    int first = heap.at(content, 1);
+                    if (slotBehind(content, 0) == 0) {
+                        form = first;
+                    } else {
+                        open(form, first);
+                    }
+                    break;
+                case LOCAL:
+                    give(values.variable(environment, form));
+                    break;
+                case GLOBAL:
+                    give(store.globalValue(content));
+                    letter = value == 0 ? 'u' : letter;
+                    break;
+                case OTHER:
+                    evaluateOther(content);
+                    break;
+                default:
+                    give(content);
+            }
+        }
+
+        private void evaluateOther(int cell) {
+            switch (heap.kindOf(cell)) {
+                case LAMBDA:
+                    give(heap.make(CLOSURE, 0, cell, environment, values.nextStamp()));
+                    break;
+                case SYNTAX:
+                    store.define(heap.at(cell, ITEM), MACRO, heap.at(cell, NEXT));
+                    give(NOTHING_CELL);
+                    break;
+                default:
+                    open(form, heap.at(cell, NEXT));
+            }
+        }
+
+        /** Lets a form wait for one of its parts. */
+        private void open(int slot, int part) {
+            level++;
+            cursors.put(level, slot);
+            places.put(level, stack.used << PLACE_SHIFT);
+            paths.put(level, 0);
+            form = part;
+        }
+
+        /** The slot behind one of a cell of parts; 0 if there is none. */
+        private int slotBehind(int parts, int index) {
+            return index < 2 ? heap.at(parts, index + 2) : heap.at(heap.noteOf(parts), 1);
+        }
+
+        /** Takes the value for the form that waits for it. */
+        void take() {
+            int slot = cursors.get(level);
+            int cell = slot >>> SLOT_SHIFT;
+            paths.put(level, 0);
+            switch (slot & TAG_MASK) {
+                case CALL:
+                    stack.add(value);
+                    if (!isNextBegun(cell)) {
+                        start = places.get(level) >> PLACE_SHIFT;
+                        level--;
+                        mode = APPLY;
+                    }
+                    break;
+                case BRANCH:
+                    level--;
+                    form = heap.at(cell, value == FALSE_CELL ? 3 : 2);
+                    mode = form == 0 ? TAKE : EVALUATE;
+                    value = form == 0 ? NOTHING_CELL : value;
+                    break;
+                case SEQUENCE:
+                    boolean isNext = isNextBegun(cell);
+                    int now = cursors.get(level) >>> SLOT_SHIFT;
+                    if (!isNext || slotBehind(now, places.get(level) & PLACE_PARTS) == 0) {
+                        level--;
+                    }
+                    break;
+                default:
+                    level--;
+                    assign(cell);
+            }
+        }
+
+        /** Goes on to the next part of a form, if there is one. */
+        private boolean isNextBegun(int parts) {
+            int place = places.get(level);
+            int index = place & PLACE_PARTS;
+            int next = slotBehind(parts, index);
+            if (next != 0) {
+                int tag = cursors.get(level) & TAG_MASK;
+                cursors.put(level, index < 2 ? cursors.get(level) : heap.noteOf(parts) << SLOT_SHIFT | tag);
+                places.put(level, index < 2 ? place + 1 : place - index);
+                form = next;
+                mode = EVALUATE;
+            }
+            return next != 0;
+        }
+
+        private void assign(int cell) {
+            int target = heap.at(cell, ITEM);
+            int cellKind = heap.kindOf(cell);
+            if (cellKind == SET_LOCAL) {
+                values.setVariable(environment, target, value);
+            } else if (cellKind == SET_GLOBAL && store.globalValue(target) == 0) {
+                letter = 'u';
+            } else {
+                store.define(target, VARIABLE, value);
+            }
+            value = NOTHING_CELL;
+        }
+
+        // ---- frames
+
+        /** Leaves the body for an application: the frames ahead of which is what is still to be done in it. */
+        int leave(int frames) {
+            stack.used = start;
+            if (level < 0) {
+                return frames;
+            }
+            int path = pathHere();
+            int row = values.pack(stack, 0, stack.used, path << 2, environment);
+            int frame = heap.make(BODY_FRAME, path, row, frames, environment);
+            reset();
+            return frame;
+        }
+
+        /** Whether leaving the body makes a frame. */
+        boolean waits() {
+            return level >= 0;
+        }
+
+        private int pathHere() {
+            int path = 0;
+            for (int i = 0; i <= level; i++) {
+                if (paths.get(i) == 0) {
+                    int base = places.get(i) >> PLACE_SHIFT;
+                    int behind = i < level ? places.get(i + 1) >> PLACE_SHIFT : stack.used;
+                    int place = base << BASE_SHIFT | behind - base << PLACE_SHIFT | places.get(i) & PLACE_PARTS;
+                    paths.put(i, heap.makeShared(PATH, 0, cursors.get(i), path, place));
+                }
+                path = paths.get(i);
+            }
+            return path;
+        }
+
+        /** How many values wait at a path. */
+        private int countAt(int path) {
+            int place = heap.at(path, EXTRA);
+            return (place >> BASE_SHIFT) + (place >> PLACE_SHIFT & PLACE_MASK);
+        }
+
+        /** How many values there are here, or are to be when a frame is gone on with. */
+        int countOfValues(int frame) {
+            return level < 0 && mode == TAKE && heap.kindOf(frame) == BODY_FRAME ? countAt(heap.noteOf(frame)) : stack.used;
+        }
+
+        /** Goes on with the body of a frame, where the value at hand is waited for. */
+        void resume(int frame) {
+            int path = heap.noteOf(frame);
+            stack.used = countAt(path);
+            values.unpack(heap.at(frame, ITEM), stack.used, stack);
+            environment = heap.at(frame, EXTRA);
+            level = -1;
+            for (int cell = path; level < MAX_FORMS_AROUND && cell != 0; cell = heap.at(cell, NEXT)) {
+                level++;
+            }
+            int at = path;
+            for (int i = level; i >= 0; i--) {
+                int place = heap.at(at, EXTRA);
+                cursors.put(i, heap.at(at, ITEM));
+                places.put(i, place >> BASE_SHIFT << PLACE_SHIFT | place & PLACE_PARTS);
+                paths.put(i, at);
+                at = heap.at(at, NEXT);
+            }
+            mode = TAKE;
+        }
+    }
+
+    /** The run at hand: procedures are applied, and what is still to be done behind a body is a chain of frames. */
+    private static final class Machine {
+        private static final byte[] ARGUMENTS = {2, 2, 2, 2, 2, 2, 2, 1, 1, 1, 1, 2, 1, 3, 2, 1, 2, 1, 2, 1};
+        private static final int MOST_PAIRS = 3;
+        private static final int REGISTERS = 4;
+        private static final int ENTERING = 1;
+
+        private final Heap heap;
+        private final Store store;
         private final Values values;
         private final Counts counts;
+        private final Body body;
         private final Row saved;
+        private final Row arguments; // of a primitive
+        private int due; // behind an application, when the body is left: the symbol of a primitive, or ENTERING
+        private int inner; // the environment of the body that is then entered
         char status; // 0 ahead of the first program, 'r', 'v', or the letter of an error
-        private int mode;
-        private int node;
-        private int index;
-        private int environment;
-        private int events; // what has been kept, and what calls and settings there were, in the calls around
-        private int time; // differs for all stretches of a body between two calls
-        private boolean isFoundLater; // whether a part may have been evaluated, since then or a setting, that is not kept
-        int value;
         private int frames;
-        private int procedure;
-        private int source;
+        private int list; // the arguments, if they are the parts of a list; otherwise 0
         private int topWind;
         private int topHandler;
 
-        Machine(Heap heap, Store store, Code code, Values values, Counts counts) {
+        Machine(Heap heap, Store store, Values values, Counts counts) {
             this.heap = heap;
             this.store = store;
-            this.code = code;
             this.values = values;
             this.counts = counts;
-            saved = heap.newRoots(REGISTERS);
+            body = new Body(heap, store, values);
+            saved = heap.newRoots(REGISTERS, REGISTERS);
+            arguments = new Row(3, 3);
         }
 
         boolean isBegun() {
@@ -3037,127 +3271,119 @@ public final class WindwardScheme {
             return status == 0 || status == 'r' || status == 'v' ? status : 'e';
         }
 
-        int countOfWinds() {
-            return heap.at(heap.at(topWind, ITEM), EXTRA);
-        }
-
-        int countOfHandlers() {
-            return heap.at(topHandler, EXTRA);
+        /** The value with which the run ended. */
+        int result() {
+            return body.value;
         }
 
         private int depthOf(int wind) {
             return heap.at(heap.at(wind, ITEM), EXTRA);
         }
 
+        int countOfWinds() {
+            return depthOf(topWind);
+        }
+
+        int countOfHandlers() {
+            return heap.at(topHandler, EXTRA);
+        }
+
         /** Gives up what there was of an earlier run. */
         void stop() {
             counts.abandoned += countOfWinds();
-            clearRegisters();
-            saveRegisters();
+            giveUp(0);
+            save();
         }
 
-        /** Begins with this code; with 0, which is a wrong program, it ends at once. */
+        /** Begins with this program; with 0, which is a wrong one, it ends at once. */
         char start(int program, char wrong) {
-            clearRegisters();
             counts.applicationsOfRun = 0;
             status = 'r';
-            mode = EVALUATE;
-            node = program;
-            index = 0;
-            nextTime();
+            body.startWith(program, 0);
             if (program == 0) {
                 fail(wrong);
             }
-            saveRegisters();
+            save();
             return stateNow();
         }
 
         char goOn(int units) {
             int fuel = units;
-            for (int i = 0; i < MAX_STEPS && status == 'r' && (mode != APPLY || fuel > 0); i++) {
-                if (heap.isDue()) {
-                    saveRegisters();
-                    heap.collect();
-                }
-                if (mode == EVALUATE) {
-                    if (code.kindOf(node) == CALL) {
-                        evaluateParts();
-                    } else {
-                        evaluateForm();
+            for (int i = 0; i < MAX_STEPS && status == 'r' && (body.mode != Body.APPLY || fuel > 0); i++) {
+                int needed = SLACK + 4 * body.countOfValues(frames);
+                if (heap.freeCells < needed) {
+                    save();
+                    if (!heap.makeRoom(needed, RESERVE)) {
+                        fail('o');
+                        break;
                     }
-                } else if (mode == TAKE && code.kindOf(node) >= SET_LOCAL) {
-                    assign();
-                } else if (mode == TAKE) {
-                    takeValue();
-                } else if (mode == RETURN) {
-                    giveToFrame();
-                } else {
+                }
+                if (body.mode == Body.EVALUATE) {
+                    body.evaluate();
+                } else if (body.mode == Body.APPLY) {
                     fuel--;
                     counts.applications++;
                     counts.applicationsOfRun++;
+                    int procedure = body.stack.get(body.start);
+                    due = 0;
                     switch (heap.kindOf(procedure)) {
                         case CLOSURE:
-                            applyClosure();
+                            bind(procedure);
                             break;
                         case PRIMITIVE:
-                            applyPrimitive();
+                            applyPrimitive(heap.at(procedure, AMOUNT));
                             break;
                         case CONTINUATION:
-                            applyContinuation();
+                            applyContinuation(procedure);
                             break;
                         default:
-                            fail('n');
+                            body.letter = 'n';
                     }
+                    list = 0;
+                    if (due != 0) {
+                        values.packVariables(body.waits() ? body.environment : 0);
+                        frames = body.leave(frames);
+                        goInto(procedure);
+                    }
+                } else if (body.isDone()) {
+                    giveToFrame();
+                } else {
+                    body.take();
                 }
-                if (heap.isFull() && status == 'r') {
-                    fail('o');
-                    saveRegisters();
-                    heap.collect();
+                if (body.letter != 0) {
+                    fail(body.letter);
                 }
             }
-            saveRegisters();
+            save();
             return stateNow();
         }
 
-        /** Lets the heap see what the registers hold. */
-        private void saveRegisters() {
-            heap.codeAtHand = node;
-            saved.put(0, environment);
-            saved.put(1, events);
-            saved.put(2, value);
-            saved.put(3, frames);
-            saved.put(4, procedure);
-            saved.put(5, topWind);
-            saved.put(6, topHandler);
+        /** Lets the heap see what is in use. */
+        private void save() {
+            body.save();
+            saved.put(0, frames);
+            saved.put(1, topWind);
+            saved.put(2, topHandler);
+            saved.put(3, list);
         }
 
-        private void clearRegisters() {
-            node = 0;
-            environment = 0;
-            events = 0;
-            value = 0;
+        private void giveUp(int last) {
+            body.end(last);
             frames = 0;
-            procedure = 0;
+            list = 0;
             topWind = 0;
             topHandler = 0;
         }
 
-        private void nextTime() {
-            time = time + 1 & MAX_NOTE;
-            isFoundLater = false;
-        }
-
         private void fail(char errorLetter) {
             counts.abandoned += countOfWinds();
-            clearRegisters();
+            giveUp(0);
             end(errorLetter);
         }
 
         private void finish() {
-            int last = value;
-            clearRegisters();
+            giveUp(body.value);
             end('v');
-            value = last;
             counts.endedWithValue++;
         }
 
@@ -3167,192 +3393,11 @@ public final class WindwardScheme {
             counts.applicationsOfEnded += counts.applicationsOfRun;
         }
 
-        private void give(int answer) {
-            value = answer;
-            mode = RETURN;
-        }
-
         private void push(int frameKind, int subject, int extra) {
             frames = heap.make(frameKind, 0, subject, frames, extra);
         }
 
-        /** Evaluates the parts of a call, as far as they need no frame. */
-        private void evaluateParts() {
-            int count = code.countOf(node);
-            for (int i = 0; i < MAX_SIZE && index < count; i++) {
-                int slot = code.slotOf(node, index);
-                int content = Code.contentOf(slot);
-                if (Code.tagOf(slot) == NODE) {
-                    enterNode(content);
-                    return;
-                }
-                if (Code.tagOf(slot) == GLOBAL && store.globalValue(content) == 0) {
-                    fail('u');
-                    return;
-                }
-                // All others are found again as they are now; but a variable further out may be set by other bodies.
-                isFoundLater = isFoundLater || Code.tagOf(slot) == LOCAL || Code.tagOf(slot) == GLOBAL;
-                int depth = Code.tagOf(slot) == LOCAL ? Code.depthOf(slot) : 0;
-                if (depth > 0 && code.isSet(code.binderOf(node, depth), slot)) {
-                    keepPart(values.valueOf(slot, environment));
-                }
-                index++;
-            }
-            values.see(environment, events, time);
-            procedure = values.valueAt(node, 0, 0);
-            source = OF_CALL;
-            mode = APPLY;
-        }
-
-        private void keepPart(int part) {
-            events = heap.makeShared(SAVED, index, part, events, node);
-        }
-
-        private void enterNode(int inner) {
-            node = inner;
-            index = 0;
-            mode = EVALUATE;
-        }
-
-        /** Lets the value be that of the node at hand. */
-        private void goUp() {
-            index = code.indexOf(node);
-            node = code.parentOf(node);
-            mode = TAKE;
-        }
-
-        private void evaluateForm() {
-            int slot = code.slotOf(node, index);
-            int content = Code.contentOf(slot);
-            mode = TAKE;
-            switch (Code.tagOf(slot)) {
-                case NODE:
-                    if (code.kindOf(content) == SYNTAX) {
-                        store.define(code.infoOf(content), MACRO, code.moreOf(content));
-                        value = NOTHING_CELL;
-                    } else {
-                        enterNode(content);
-                    }
-                    break;
-                case LOCAL:
-                    value = values.valueOf(slot, environment);
-                    break;
-                case GLOBAL:
-                    value = store.globalValue(content);
-                    break;
-                case CLOSED:
-                    value = heap.make(CLOSURE, 0, content, environment, time);
-                    break;
-                default:
-                    value = content;
-            }
-            if (mode == TAKE && value == 0) {
-                fail('u');
-            }
-        }
-
-        /** Takes the value of the slot at hand. */
-        private void takeValue() {
-            boolean isEnd = index == code.countOf(node) - 1;
-            boolean goesOn = !isEnd;
-            switch (code.kindOf(node)) {
-                case CALL:
-                    values.see(environment, events, time);
-                    if (!values.isFoundAgain(node, index)) {
-                        keepPart(value);
-                    } else if (!code.isSetting(Code.contentOf(code.slotOf(node, index)))) {
-                        isFoundLater = true;
-                    }
-                    goesOn = true;
-                    break;
-                case BRANCH:
-                    boolean isTest = index == 0;
-                    int chosen = value == FALSE_CELL ? 2 : 1;
-                    goesOn = isTest && chosen < code.countOf(node);
-                    value = isTest && !goesOn ? NOTHING_CELL : value;
-                    index = chosen - 1;
-                    break;
-                default:
-                    break;
-            }
-            int nodeKind = code.kindOf(node);
-            if (goesOn) {
-                index++;
-                mode = EVALUATE;
-            } else if (nodeKind == LAMBDA || nodeKind == PROGRAM) {
-                mode = RETURN;
-            } else {
-                goUp();
-            }
-        }
-
-        /** Lets a variable have the value; what has been evaluated in the calls around is still to be found as it was. */
-        private void assign() {
-            int info = code.infoOf(node);
-            boolean isLocal = code.kindOf(node) == SET_LOCAL;
-            int settings = heap.at(environment, EXTRA);
-            int depth = isLocal ? Code.depthOf(info) : 0;
-            if (depth == 0 && isFoundLater && code.isInCall(node)) {
-                events = heap.make(CHANGED, node, store.globals(), events, settings);
-                isFoundLater = false;
-            }
-            if (isLocal) {
-                int around = values.outer(environment, depth);
-                heap.put(around, EXTRA, heap.withLeaf(heap.at(around, EXTRA), Code.placeOf(info), value));
-            } else if (code.kindOf(node) == SET_GLOBAL && store.globalValue(info) == 0) {
-                fail('u');
-            } else {
-                store.define(info, VARIABLE, value);
-            }
-            if (status == 'r') {
-                value = NOTHING_CELL;
-                goUp();
-            }
-        }
-
-        /** The frame of the call at hand, with what has been kept for it. */
-        private int frameHere(int kept, int next) {
-            int state = heap.make(STATE, heap.at(environment, EXTRA), environment, kept, store.globals());
-            return heap.make(CALL_FRAME, time, node, next, state);
-        }
-
-        /** The events without what was kept for the call at hand since the last call or setting in its parts. */
-        private int eventsAround() {
-            int event = events;
-            for (int i = 0; i < MAX_SIZE && heap.kindOf(event) == SAVED && heap.at(event, EXTRA) == node; i++) {
-                event = heap.at(event, NEXT);
-            }
-            return event;
-        }
-
-        /** Lets what is still to be done behind the call at hand wait for its value. */
-        private void leaveCall() {
-            if (source == OF_CALL && !code.isLast(node)) {
-                frames = frameHere(eventsAround(), frames);
-            }
-        }
-
-        /** Goes on behind the call of a frame. */
-        private void resume(int frame) {
-            int state = heap.at(frame, EXTRA);
-            node = heap.at(frame, ITEM);
-            frames = heap.at(frame, NEXT);
-            environment = heap.at(state, ITEM);
-            events = code.isInCall(node) ? heap.make(RESUMED, 0, value, frame, 0) : 0;
-            nextTime();
-            goUp();
-            if (code.kindOf(node) == CALL) {
-                index++;
-                mode = EVALUATE;
-            }
-        }
-
-        private void applyLater(int applied, int whatIsGiven, int given) {
-            procedure = applied;
-            source = whatIsGiven;
-            value = given;
-            mode = APPLY;
-        }
+        // ---- frames
 
         private void giveToFrame() {
             int frame = frames;
@@ -3360,29 +3405,27 @@ public final class WindwardScheme {
                 finish();
                 return;
             }
-            int frameKind = heap.kindOf(frame);
-            if (frameKind == CALL_FRAME) {
-                resume(frame);
-                return;
-            }
             frames = heap.at(frame, NEXT);
             int subject = heap.at(frame, ITEM);
             int extra = heap.at(frame, EXTRA);
-            switch (frameKind) {
+            switch (heap.kindOf(frame)) {
+                case BODY_FRAME:
+                    body.resume(frame);
+                    break;
                 case HANDLER_FRAME:
                     topHandler = subject;
                     break;
                 case BEFORE_FRAME:
                     enter(subject);
                     push(DURING_FRAME, subject, 0);
-                    applyLater(extra, OF_NONE, 0);
+                    body.applyLater(extra);
                     break;
                 case DURING_FRAME:
-                    push(AFTER_FRAME, value, 0);
+                    push(AFTER_FRAME, body.value, 0);
                     leaveWind(subject);
                     break;
                 case AFTER_FRAME:
-                    value = subject;
+                    body.value = subject;
                     break;
                 case JUMP_FRAME:
                     goOnWithJump(subject, extra);
@@ -3407,161 +3450,134 @@ public final class WindwardScheme {
             topWind = heap.at(wind, NEXT);
             counts.left++;
             topHandler = heap.at(wind, EXTRA);
-            applyLater(heap.at(heap.at(wind, ITEM), NEXT), OF_NONE, 0);
+            body.applyLater(heap.at(heap.at(wind, ITEM), NEXT));
         }
+
+        // ---- applications
 
         private int argumentCount() {
-            switch (source) {
-                case OF_CALL:
-                    return code.countOf(node) - 1;
-                case OF_LIST:
-                    return values.lengthOf(value);
-                default:
-                    return source == OF_ONE ? 1 : 0;
-            }
+            return list == 0 ? body.stack.used - body.start - 1 : values.lengthOf(list);
         }
 
-        private int argument(int place) {
-            int part = source == OF_ONE ? value : source == OF_LIST ? values.partOf(value, place) : 0;
-            if (part != 0) {
-                return part;
-            }
-            if (source == OF_LIST) {
-                return values.valueAt(heap.at(values.spotFrame, ITEM), values.spotIndex, 0);
-            }
-            values.see(environment, events, time);
-            return values.valueAt(node, place + 1, 0);
-        }
-
-        // An environment notes through how many calls a variable in it may have to be looked for. Where they would be too
-        // many, the arguments are looked for at once; so seldom that it takes less than a cell for each application.
-        private void applyClosure() {
-            int lambda = heap.at(procedure, CODE);
-            int around = heap.at(procedure, ENVIRONMENT);
-            int info = code.infoOf(lambda);
-            int parameters = Code.parametersOf(info);
-            int bound = parameters + (Code.hasRest(info) ? 1 : 0);
+        /** Makes the environment in which the body of a closure is evaluated. */
+        private void bind(int closure) {
+            int lambda = heap.at(closure, CODE);
+            int around = heap.at(closure, AROUND);
+            int parameters = heap.at(lambda, ITEM) >> 1;
+            boolean hasRest = (heap.at(lambda, ITEM) & 1) != 0;
             int count = argumentCount();
-            boolean hasExtra = count > parameters;
-            if (count < parameters || hasExtra && bound == parameters) {
-                fail('a');
+            if (count < parameters || count > parameters && !hasRest) {
+                body.letter = 'a';
                 return;
             }
-            int distance = Math.max(heap.noteOf(around), distanceOfArguments());
-            boolean isNear = distance <= Math.max(MIN_DISTANCE, 4 * count);
-            int inner = around;
-            if (isNear && source != OF_ONE && (bound > 2 || hasExtra || bound == 2 && source == OF_CALL && hasLambda())) {
-                int from = source == OF_LIST ? value : frameForParts();
-                inner = heap.make(source == OF_LIST ? LIST_ENVIRONMENT : CALL_ENVIRONMENT, distance, from, around, 0);
-            } else if (bound > 0) {
-                int rest = hasExtra && source == OF_LIST ? values.copyFrom(value, parameters) : EMPTY_CELL;
-                for (int i = count - 1; i >= parameters && source != OF_LIST; i--) {
-                    rest = heap.make(PAIR, 0, argument(i), rest, 0);
-                }
-                int items = 0;
-                for (int i = (bound - 1) / 2 * 2; i >= 0; i -= 2) {
-                    int one = i < parameters ? argument(i) : rest;
-                    int other = i + 1 < parameters ? argument(i + 1) : rest;
-                    items = bound == 1 ? one : heap.make(ITEMS, 0, one, items, other);
-                }
-                leaveCall();
-                int environmentKind = bound == 1 ? ONE_ENVIRONMENT : ITEMS_ENVIRONMENT;
-                inner = heap.make(environmentKind, heap.noteOf(around), items, around, 0);
+            Row stack = body.stack;
+            int first = body.start + 1;
+            int left = list;
+            for (int i = 0; i < parameters && list != 0; i++) {
+                stack.put(first + i, values.firstOf(left));
+                left = values.restOf(left);
+            }
+            int extra = count - parameters;
+            int rest = EMPTY_CELL;
+            if (hasRest && list != 0) {
+                rest = values.copyOf(left);
+            } else if (extra > MOST_PAIRS) {
+                rest = values.listOf(values.pack(stack, first + parameters, extra, lambda << 2 | 2, body.environment));
             } else {
-                leaveCall();
+                for (int i = extra - 1; i >= 0; i--) {
+                    rest = heap.make(PAIR, 0, stack.get(first + parameters + i), rest, 0);
+                }
             }
-            node = lambda;
-            index = 0;
-            environment = inner;
-            events = 0;
-            mode = EVALUATE;
-            nextTime();
-        }
-
-        /** Whether a part of the call at hand is a lambda, which takes a cell when it is looked for. */
-        private boolean hasLambda() {
-            boolean isSo = false;
-            int count = code.countOf(node);
-            for (int i = 1; i < count && !isSo; i++) {
-                isSo = Code.tagOf(code.slotOf(node, i)) == CLOSED;
+            if (hasRest) {
+                stack.put(first + parameters, rest);
             }
-            return isSo;
-        }
-
-        private int distanceOfArguments() {
-            if (source == OF_LIST) {
-                return values.distanceOfList(value);
+            int bound = parameters + (hasRest ? 1 : 0);
+            inner = around;
+            if (bound == 1) {
+                inner = heap.make(ONE_ENVIRONMENT, 0, stack.get(first), around, 0);
+            } else if (bound > 1) {
+                int row = values.pack(stack, first, bound, lambda << 2 | 1, body.environment);
+                inner = heap.make(ENVIRONMENT, 0, row, around, lambda);
             }
-            return source == OF_CALL ? heap.noteOf(environment) + 1 : 0;
+            due = ENTERING;
         }
 
-        /** The frame of the call at hand, in which its parts are found; and what is still to be done behind it waits. */
-        private int frameForParts() {
-            boolean isLast = code.isLast(node);
-            int frame = frameHere(events, isLast ? 0 : frames);
-            frames = isLast ? frames : frame;
-            return frame;
-        }
-
-        private void applyContinuation() {
+        private void applyContinuation(int continuation) {
             if (argumentCount() == 1) {
-                jump(procedure, argument(0), 0);
+                int carried = list == 0 ? body.stack.get(body.start + 1) : values.firstOf(list);
+                jump(continuation, carried, 0);
             } else {
-                fail('a');
+                body.letter = 'a';
             }
         }
 
-        private void applyPrimitive() {
-            int symbol = heap.at(procedure, AMOUNT);
-            int due = symbol - FIRST_PRIMITIVE;
-            due = due >= 0 && due < ARGUMENTS.length ? ARGUMENTS[due] : 0;
-            if (argumentCount() != due) {
-                fail('a');
+        /** Applies a primitive; one that changes what is still to be done is then due. */
+        private void applyPrimitive(int symbol) {
+            int place = symbol - FIRST_PRIMITIVE;
+            int count = place >= 0 && place < ARGUMENTS.length ? ARGUMENTS[place] : 0;
+            if (argumentCount() != count) {
+                body.letter = 'a';
                 return;
             }
-            int one = argument(0);
-            int other = due > 1 ? argument(1) : 0;
-            int third = due > 2 ? argument(2) : 0;
+            int left = list;
+            for (int i = 0; i < count; i++) {
+                arguments.put(i, list == 0 ? body.stack.get(body.start + 1 + i) : values.firstOf(left));
+                left = list == 0 ? 0 : values.restOf(left);
+            }
             if (symbol >= 22 && symbol != 25) {
-                leaveCall();
-                control(symbol, one, other, third);
+                due = symbol;
                 return;
             }
-            int answer = symbol != 17 ? values.answer(symbol, one, other) : values.isPair(one) ? values.firstOf(one) : -'t';
+            int one = arguments.get(0);
+            boolean isOfPairs = symbol == 17 || symbol == 18;
+            int answer = -'t';
+            if (!isOfPairs) {
+                answer = values.answer(symbol, one, arguments.get(1));
+            } else if (values.isPair(one)) {
+                answer = symbol == 17 ? values.firstOf(one) : values.restOf(one);
+            }
             if (answer < 0) {
-                fail((char) -answer);
-            } else if (source == OF_CALL) {
-                events = code.isInCall(node) ? eventsAround() : 0;
-                value = answer;
-                goUp();
+                body.letter = (char) -answer;
             } else {
-                give(answer);
+                body.stack.used = body.start;
+                body.give(answer);
             }
         }
 
-        /** Applies a primitive that changes what is still to be done. */
+        /** Goes on with what is due when the body has been left. */
+        private void goInto(int procedure) {
+            if (due == ENTERING) {
+                int lambda = heap.at(procedure, CODE);
+                body.startWith(SEQUENCE | heap.at(lambda, NEXT) << SLOT_SHIFT, inner);
+            } else {
+                control(due, arguments.get(0), arguments.get(1), arguments.get(2));
+            }
+        }
+
         private void control(int symbol, int one, int other, int third) {
             switch (symbol) {
                 case 22:
-                    applyLater(one, OF_ONE, heap.make(CONTINUATION, 0, frames, topWind, topHandler));
+                    body.applyLater(one);
+                    body.stack.add(heap.make(CONTINUATION, 0, frames, topWind, topHandler));
                     break;
                 case 23:
                     wind(one, other, third);
                     break;
                 case 24:
-                    applyLater(one, OF_LIST, other);
+                    body.applyLater(one);
+                    list = other;
                     if (values.lengthOf(other) < 0) {
-                        fail('t');
+                        body.letter = 't';
                     }
                     break;
                 case 26:
                     push(PROMPT_FRAME, other, heap.make(CONTINUATION, 0, frames, topWind, topHandler));
-                    applyLater(one, OF_NONE, 0);
+                    body.applyLater(one);
                     break;
                 case 27:
                     int prompt = innermostPrompt();
                     if (prompt == 0) {
-                        fail('w');
+                        body.letter = 'w';
                     } else {
                         jump(heap.at(prompt, EXTRA), one, heap.at(prompt, ITEM));
                     }
@@ -3569,7 +3585,7 @@ public final class WindwardScheme {
                 case 28:
                     push(HANDLER_FRAME, topHandler, 0);
                     topHandler = heap.make(HANDLER, 0, one, topHandler, countOfHandlers() + 1);
-                    applyLater(other, OF_NONE, 0);
+                    body.applyLater(other);
                     break;
                 default:
                     raise(one);
@@ -3584,18 +3600,19 @@ public final class WindwardScheme {
             boolean isEven = depthOf(topWind) - depthOf(out) == depthOf(out) - depthOf(further);
             int wind = heap.make(WIND, topWind != 0 && isEven ? further : topWind, thunks, topWind, topHandler);
             push(BEFORE_FRAME, wind, during);
-            applyLater(before, OF_NONE, 0);
+            body.applyLater(before);
         }
 
         private void raise(int raised) {
             if (topHandler == 0) {
-                fail('h');
+                body.letter = 'h';
                 return;
             }
             int handler = topHandler;
             push(HANDLER_FRAME, handler, 0);
             topHandler = heap.at(handler, NEXT);
-            applyLater(heap.at(handler, ITEM), OF_ONE, raised);
+            body.applyLater(heap.at(handler, ITEM));
+            body.stack.add(raised);
         }
 
         /** The frame of the innermost prompt; 0 if there is none. */
@@ -3613,7 +3630,7 @@ public final class WindwardScheme {
             int goal = heap.make(GOAL, 0, target, carried, taker);
             frames = 0;
             push(JUMP_FRAME, goal, innermostOfBoth(topWind, heap.at(target, WINDS)));
-            give(NOTHING_CELL);
+            body.end(NOTHING_CELL);
         }
 
         /** The wind at this depth that is around a wind, or is that one. */
@@ -3650,7 +3667,7 @@ public final class WindwardScheme {
                 int next = windAround(innermost, depthOf(staying) + 1);
                 push(ENTER_FRAME, goal, next);
                 topHandler = heap.at(next, EXTRA);
-                applyLater(heap.at(heap.at(next, ITEM), ITEM), OF_NONE, 0);
+                body.applyLater(heap.at(heap.at(next, ITEM), ITEM));
             } else {
                 topHandler = heap.at(target, HANDLERS);
                 arrive(heap.at(goal, NEXT), heap.at(goal, EXTRA));
@@ -3659,9 +3676,10 @@ public final class WindwardScheme {
 
         private void arrive(int carried, int taker) {
             if (taker == 0) {
-                give(carried);
+                body.give(carried);
             } else {
-                applyLater(taker, OF_ONE, carried);
+                body.applyLater(taker);
+                body.stack.add(carried);
             }
         }
     }

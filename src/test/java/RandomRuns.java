@@ -28,9 +28,9 @@ public final class RandomRuns {
         long seed = args.length > 1 ? Long.parseLong(args[1]) : 1;
         for (int i = 0; i < objects; i++) {
             RandomRuns runs = new RandomRuns(seed + i);
-            runs.one(i % 5);
+            runs.one(i % 6);
             if (runs.wrong > 0) {
-                System.out.println("seed " + (seed + i) + ", kind " + i % 5);
+                System.out.println("seed " + (seed + i) + ", kind " + i % 6);
                 for (String line : runs.history) System.out.println(line);
                 System.exit(1);
             }
@@ -166,6 +166,7 @@ public final class RandomRuns {
                 if (kind == 2) macroProgram();
                 else if (kind == 3) readings();
                 else if (kind == 4) wildCalls();
+                else if (kind == 5) waitingProgram(i);
                 else program(kind == 1);
             }
         } catch (TooMuch e) {
@@ -504,6 +505,140 @@ public final class RandomRuns {
             if (chance(20)) form = "((lambda (s5" + random.nextInt(3) + ") " + form + ") 1)";
             if (chance(10)) form = "(s55 " + form + ")";
             runProgram(form);
+        }
+    }
+
+    // ---- programs with many parts that wait, variables that are set meanwhile, and continuations
+
+    private void waitingProgram(int number) throws Exception {
+        if (number == 0) {
+            lay1("(define s34 (lambda s47 s47))");
+            lay1("(define s30 1)");
+            lay1("(define s31 (quote (1 2)))");
+            lay1("(define s32 (lambda () s30))");
+            lay1("(define s33 #f)");
+            lay1("(define s35 (lambda (s41) s41))");
+            lay1("(define s37 0)");
+            lay1("(define s38 s34)");
+        }
+        List<String> none = new ArrayList<>();
+        switch (random.nextInt(4)) {
+            case 0:
+                lay1("(set s37 0)");
+                runProgram("(define s38 " + loop() + ")");
+                runProgram("(s38 0" + parts(random.nextInt(7), 1, none) + ")");
+                break;
+            case 1:
+                lay1("(set s37 0)");
+                runProgram("(define s32 (lambda () " + part(3, none) + "))");
+                break;
+            default:
+                lay1("(set s37 0)");
+                runProgram(part(4 + random.nextInt(3), none));
+        }
+    }
+
+    /** A procedure that applies itself, and hands its arguments on, some at other places. */
+    private String loop() {
+        int count = random.nextInt(7);
+        List<String> names = new ArrayList<>();
+        StringBuilder parameters = new StringBuilder("s41");
+        names.add("s41");
+        for (int i = 0; i < count; i++) {
+            names.add("s" + (48 + i));
+            parameters.append(" s").append(48 + i);
+        }
+        boolean hasRest = chance(25);
+        if (hasRest) {
+            names.add("s47");
+            parameters.append(" . s47");
+        }
+        StringBuilder again = new StringBuilder("(s38 (s10 s41 1)");
+        for (int i = 0; i < count; i++) {
+            again.append(" ").append(chance(60) ? names.get(1 + random.nextInt(count)) : part(2, names));
+        }
+        if (hasRest) again.append(parts(random.nextInt(3), 1, names));
+        again.append(")");
+        if (hasRest && chance(30)) again = new StringBuilder("(s24 s38 (s16 (s10 s41 1) (s34" + parts(count, 1, names) + ")))");
+        String body = again.toString();
+        boolean isTail = chance(50);
+        if (!isTail) body = "(s34" + parts(random.nextInt(3), 2, names) + " " + body + parts(random.nextInt(3), 2, names) + ")";
+        if (chance(30)) body = "(begin " + part(2, names) + " " + body + ")";
+        if (chance(20)) body = "((lambda (s42) " + body + ") " + part(1, names) + ")";
+        return "(lambda (" + parameters + ") (if (s14 s41 " + (isTail ? 5 + random.nextInt(50) : 1 + random.nextInt(6)) + ") "
+                + body + " (s34 " + String.join(" ", names) + ")))";
+    }
+
+    private String parts(int count, int depth, List<String> bound) {
+        StringBuilder list = new StringBuilder();
+        for (int i = 0; i < count; i++) list.append(" ").append(part(depth, bound));
+        return list.toString();
+    }
+
+    private String target(List<String> bound) {
+        return bound.isEmpty() || chance(30) ? pick("s30", "s31", "s33") : bound.get(random.nextInt(bound.size()));
+    }
+
+    private String part(int depth, List<String> bound) {
+        if (depth <= 0 || chance(15)) {
+            return chance(20) ? pick("1", "2/3", "#t", "#f", "(quote (1 (2)))", "(lambda () s30)") : target(bound);
+        }
+        int d = depth - 1;
+        switch (random.nextInt(20)) {
+            case 0:
+                return "(if " + part(d, bound) + " " + part(d, bound) + (chance(80) ? " " + part(d, bound) : "") + ")";
+            case 1:
+                return "(begin" + parts(1 + random.nextInt(3), d, bound) + ")";
+            case 2:
+                return "(begin (set " + target(bound) + " " + part(d, bound) + ") " + part(d, bound) + ")";
+            case 3:
+                return "(set " + target(bound) + " " + part(d, bound) + ")";
+            case 4:
+            case 5:
+                return "(s34" + parts(random.nextInt(5), d, bound) + ")";
+            case 6:
+            case 7:
+            case 8: {
+                int count = random.nextInt(6);
+                List<String> inner = new ArrayList<>(bound);
+                StringBuilder list = new StringBuilder();
+                for (int i = 0; i < count; i++) {
+                    String name = "s" + (40 + i + random.nextInt(3) * 5);
+                    if (inner.subList(bound.size(), inner.size()).contains(name)) name = "s" + (20 + i);
+                    inner.add(name);
+                    list.append(i > 0 ? " " : "").append(name);
+                }
+                boolean hasRest = chance(20);
+                String parameters = "(" + list + (hasRest && count > 0 ? " . s56" : "") + ")";
+                if (hasRest && count == 0) parameters = "s56";
+                if (hasRest) inner.add("s56");
+                String lambda = "(lambda " + parameters + " " + (chance(40) ? part(d, inner) + " " : "") + part(d, inner) + ")";
+                int given = count + (hasRest ? random.nextInt(4) : 0);
+                if (chance(20)) return "(s24 " + lambda + " (s34" + parts(given, d, bound) + "))";
+                return "(" + lambda + parts(given, d, bound) + ")";
+            }
+            case 9:
+                return "(s22 (lambda (s57) (begin (set s35 s57) " + part(d, bound) + ")))";
+            case 10:
+            case 11:
+                return "(if (s14 s37 4) (begin (set s37 (s10 s37 1)) (s35 " + part(d, bound) + ")) " + part(d, bound) + ")";
+            case 12:
+                return "(s21 " + part(d, bound) + " " + part(d, bound) + ")";
+            case 13:
+                return "(s17 (s34 " + part(d, bound) + parts(random.nextInt(2), d, bound) + "))";
+            case 14:
+                return "(s18 (s34 " + part(d, bound) + parts(random.nextInt(3), d, bound) + "))";
+            case 15:
+                return "(lambda () " + part(d, bound) + ")";
+            case 16:
+                return "((lambda (s58) (s34 (s21 s58 s58) (s58) (s21 s58 " + target(bound) + "))) (lambda () " + part(d, bound) + "))";
+            case 17:
+                return chance(50) ? "(s32)" : "(set s32 (lambda () " + part(d, bound) + "))";
+            case 18:
+                return "(s16 " + part(d, bound) + " " + part(d, bound) + ")";
+            default:
+                return "((lambda (s59) (s34 (s59) " + part(d, bound) + " (s59))) (lambda () (set " + target(bound) + " "
+                        + part(d, bound) + ") " + target(bound) + "))";
         }
     }
 

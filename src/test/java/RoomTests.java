@@ -99,7 +99,7 @@ public final class RoomTests {
         x.begin(lay(x, "(s30 0)"));
         due("loop", runOn(x, 500), 'r');
         due("loop applications", x.applications(), 250000);
-        room("endless loop", x, 80000);
+        room("endless loop", x, 130000);
         x.begin(lay(x, "(s10 1/2 1/3)"));
         x.run(1);
         due("behind the loop", valueOf(x), "5/6");
@@ -203,7 +203,7 @@ public final class RoomTests {
             due("expansion run " + i, x.run(1), 'v');
         }
         due("expansions", x.expansions(), 200 * 15);
-        room("large expansions", x, 160000);
+        room("large expansions", x, 200000);
     }
 
     /** Frames that are come back to without any application in between. */
@@ -235,6 +235,6 @@ public final class RoomTests {
     private static void manyObjects() throws IllegalAccessException {
         WindwardScheme x = new WindwardScheme();
         for (int i = 0; i < 500; i++) x.number(i, 7);
-        room("laid data alone", x, 40000);
+        room("laid data alone", x, 50000);
     }
 }
