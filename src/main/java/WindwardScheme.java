@@ -62,7 +62,7 @@ public final class WindwardScheme {
     private static final int RUN = 18; // offset, next; note: length and mode
     // Kinds of cells: what variables are bound to.
     private static final int ONE_ENVIRONMENT = 19; // value, the environment around
-    private static final int ENVIRONMENT = 20; // row of values, the environment around, lambda
+    private static final int ENVIRONMENT = 20; // row of values, the environment around, lambda; note: whether one was set
     // Kinds of cells: code.
     private static final int PARTS = 21; // three slots; note: next
     private static final int LAMBDA = 22; // twice the parameters and 1 for a rest, parts of the body
@@ -2299,10 +2299,11 @@ public final class WindwardScheme {
     /**
      * Rows of values, variables, lists, and the primitives that come to a value at once.
      *
-     * <p>A few values in a row are held as they are. More of them are packed, since a run can hold hundreds ahead of
-     * each application: as runs of values that are like others of the row, or like those of an earlier row from the same
-     * place, its base; just the others are held. A closure that was made where the row was is like one of its base if it
-     * has the same code, the environment of the first closure made there, and was made as long after that one.
+     * <p>A few values in a row are held as they are. More of them, or more than one closure, are packed, since a run can
+     * hold hundreds ahead of each application: as runs of values that are like others of the row, or like those of an
+     * earlier row from the same place, its base; just the others are held. A closure that was made where the row was is
+     * like one of its base if it has the same code, the environment of the first closure made there, and was made as long
+     * after that one.
      *
      * <p>A VIEW is a list that looks like a row of values from a place on, like another list, or like a datum whose pairs
      * are made anew; but it is a list of its own by its stamp. So nothing is copied.
@@ -2317,14 +2318,17 @@ public final class WindwardScheme {
         private static final int LASTS = 256;
         private static final int STAMPS = 65536;
         private static final int KINDS = 4;
+        private static final int IS_SET = 1;
         private static final int MOST_MISSES = 2;
         // What a run is: values of its own, those of the row some places back, those of the base some places on, with
-        // closures made anew or as they are. SAMPLE is no run: the first value of its own is the first closure made there.
+        // closures made anew or as they are, closures made there one behind the other, of which the lambdas are its own.
+        // SAMPLE is no run: the first value of its own is the first closure made there.
         private static final int LITERAL = 0;
         private static final int SELF = 1;
         private static final int COPY = 2;
         private static final int RAW = 3;
         private static final int SAMPLE = 4;
+        private static final int MADE = 5;
         private static final int MODE_MASK = 7;
         private static final int MODE_SHIFT = 3;
 
@@ -2378,16 +2382,19 @@ public final class WindwardScheme {
 
         /** A row of some values of another one; 0 if there are none. The key tells where it comes from, and its kind. */
         int pack(Row row, int first, int length, int key, int environment) {
-            if (length <= MOST_PLAIN) {
-                return plain(row, first, length);
-            }
             from = row;
             start = first;
             count = length;
             sample = 0;
-            for (int i = first; i < first + length && sample == 0; i++) {
+            int closures = 0;
+            for (int i = first; i < first + length; i++) {
                 boolean isMadeHere = heap.kindOf(row.get(i)) == CLOSURE && heap.at(row.get(i), AROUND) == environment;
-                sample = isMadeHere ? row.get(i) : 0;
+                sample = isMadeHere && closures == 0 ? row.get(i) : sample;
+                closures += isMadeHere ? 1 : 0;
+            }
+            // Closures are the only values that come together without an application for each.
+            if (length <= MOST_PLAIN && closures < 2) {
+                return plain(row, first, length);
             }
             boolean canBeBase = length <= MOST_WITH_BASE;
             int place = (key ^ key >>> 8) & LASTS - 1;
@@ -2419,7 +2426,11 @@ public final class WindwardScheme {
             return packed;
         }
 
+        /** A row that is held plainly: one value is its own row. */
         private int plain(Row row, int first, int length) {
+            if (length == 1) {
+                return row.get(first);
+            }
             int items = 0;
             for (int i = (length + 2) / 3 * 3 - 3; i >= 0; i -= 3) {
                 int other = i + 1 < length ? row.get(first + i + 1) : 0;
@@ -2434,7 +2445,8 @@ public final class WindwardScheme {
             int row = packed;
             chain.used = 0;
             for (int i = 0; i < 2 * MAX_CHAIN && row != 0; i++) {
-                chain.add(row);
+                chain.put(i, row);
+                chain.used = i + 1;
                 row = heap.at(row, ITEM);
             }
             return chain.used;
@@ -2442,7 +2454,8 @@ public final class WindwardScheme {
 
         /** The first closure that was made where a packed row was; 0 if there is none. */
         private int sampleOf(int packed) {
-            return heap.noteOf(heap.at(packed, NEXT)) == SAMPLE ? heap.at(heap.at(packed, EXTRA), ITEM) : 0;
+            int own = heap.noteOf(heap.at(packed, NEXT)) == SAMPLE ? heap.at(packed, EXTRA) : 0;
+            return heap.kindOf(own) == ITEMS ? heap.at(own, 1) : own;
         }
 
         /** Looks at the values of a base, which is the last row of this kind or another one. */
@@ -2517,12 +2530,20 @@ public final class WindwardScheme {
 
         private void addLiteral(int value) {
             int last = tokens.used - 3;
-            if (tokens.used > 0 && tokens.get(last) == LITERAL) {
-                tokens.put(last + 1, tokens.get(last + 1) + 1);
+            int later = heap.at(value, STAMP) - heap.at(sample, STAMP);
+            boolean isMade = heap.kindOf(value) == CLOSURE
+                    && sample != 0
+                    && heap.at(value, AROUND) == heap.at(sample, AROUND)
+                    && later >= 0
+                    && later < STAMPS;
+            int mode = isMade ? MADE : LITERAL;
+            int length = tokens.get(last + 1);
+            if (last >= 0 && tokens.get(last) == mode && (!isMade || tokens.get(last + 2) + length == later)) {
+                tokens.put(last + 1, length + 1);
             } else {
-                addToken(LITERAL, 1, 0);
+                addToken(mode, 1, isMade ? later : 0);
             }
-            literals.add(value);
+            literals.add(isMade ? heap.at(value, CODE) : value);
         }
 
         /** How many values from a place on are like those some places back. */
@@ -2536,23 +2557,21 @@ public final class WindwardScheme {
 
         /** How many values from a place on are like those of the base some places on. */
         private int knownLength(int place, int shift, boolean areRenewed) {
+            boolean canBeRenewed = areRenewed && sample != 0 && knownSample != 0;
+            int aroundNow = heap.at(sample, AROUND);
+            int aroundThen = heap.at(knownSample, AROUND);
+            int gap = heap.at(sample, STAMP) - heap.at(knownSample, STAMP);
             int length = 0;
             for (int i = place; i < count && i + shift >= 0 && i + shift < known.used; i++) {
                 int value = from.get(start + i);
                 int old = known.get(i + shift);
-                int later = heap.at(old, STAMP) - heap.at(knownSample, STAMP);
-                boolean isRenewed = areRenewed
-                        && sample != 0
-                        && knownSample != 0
-                        && heap.kindOf(old) == CLOSURE
-                        && heap.at(old, AROUND) == heap.at(knownSample, AROUND)
-                        && later >= 0
-                        && later < STAMPS;
-                boolean isLike = isRenewed
+                boolean isOld = canBeRenewed && heap.kindOf(old) == CLOSURE && heap.at(old, AROUND) == aroundThen;
+                int later = isOld ? heap.at(old, STAMP) - heap.at(knownSample, STAMP) : -1;
+                boolean isLike = later >= 0 && later < STAMPS
                         ? heap.kindOf(value) == CLOSURE
                                 && heap.at(value, CODE) == heap.at(old, CODE)
-                                && heap.at(value, AROUND) == heap.at(sample, AROUND)
-                                && heap.at(value, STAMP) - heap.at(sample, STAMP) == later
+                                && heap.at(value, AROUND) == aroundNow
+                                && heap.at(value, STAMP) - heap.at(old, STAMP) == gap
                         : heap.areSame(value, old);
                 if (!isLike) {
                     return length;
@@ -2566,6 +2585,9 @@ public final class WindwardScheme {
             if (heap.kindOf(row) == PACKED) {
                 return heap.noteOf(row);
             }
+            if (heap.kindOf(row) != ITEMS) {
+                return row == 0 ? 0 : 1;
+            }
             int items = row;
             int before = 0;
             for (int i = 0; i < MAX_ROW && heap.noteOf(items) != 0; i++) {
@@ -2577,6 +2599,9 @@ public final class WindwardScheme {
 
         /** A value of a row that is held plainly. */
         private int plainValue(int row, int index) {
+            if (heap.kindOf(row) != ITEMS) {
+                return index == 0 ? row : 0;
+            }
             int items = row;
             for (int i = 0; i < index / 3; i++) {
                 items = heap.noteOf(items);
@@ -2598,6 +2623,8 @@ public final class WindwardScheme {
         private int packedValue(int row, int index) {
             int at = row;
             int place = index;
+            int sampleThere = 0;
+            int later = 0;
             chain.used = 0;
             for (int step = 0; step < MAX_ROW && heap.kindOf(at) == PACKED; step++) {
                 int run = heap.at(at, NEXT);
@@ -2607,11 +2634,17 @@ public final class WindwardScheme {
                 for (int i = 0; i < MAX_ROW && run != 0 && place >= begin + (heap.noteOf(run) >> MODE_SHIFT); i++) {
                     int length = heap.noteOf(run) >> MODE_SHIFT;
                     begin += length;
-                    own += (heap.noteOf(run) & MODE_MASK) == LITERAL ? length : 0;
+                    own += (heap.noteOf(run) & MODE_MASK) % MADE == LITERAL ? length : 0;
                     run = heap.at(run, NEXT);
                 }
                 int offset = heap.at(run, ITEM);
                 switch (heap.noteOf(run) & MODE_MASK) {
+                    case MADE:
+                        sampleThere = sampleOf(at);
+                        later = offset + place - begin;
+                        at = heap.at(at, EXTRA);
+                        place += own - begin;
+                        break;
                     case LITERAL:
                         at = heap.at(at, EXTRA);
                         place += own - begin;
@@ -2629,17 +2662,19 @@ public final class WindwardScheme {
                         place += offset;
                 }
             }
-            for (int i = 0; i < place / 3; i++) {
-                at = heap.noteOf(at);
+            int value = plainValue(at, place);
+            int valueKind = heap.kindOf(value);
+            if (valueKind == LAMBDA) {
+                return renewed(value, heap.at(sampleThere, AROUND), heap.at(sampleThere, STAMP) + later);
             }
-            int value = heap.at(at, place % 3 + 1);
-            return chain.used > 0 && heap.kindOf(value) == CLOSURE ? renewed(value) : value;
+            boolean isClosure = valueKind == CLOSURE && chain.used > 0;
+            return isClosure ? renewed(heap.at(value, CODE), heap.at(value, AROUND), heap.at(value, STAMP)) : value;
         }
 
-        /** A closure as it is in the first row of the chain, from how it is in the last one's base. */
-        private int renewed(int closure) {
-            int around = heap.at(closure, AROUND);
-            int stamp = heap.at(closure, STAMP);
+        /** A closure as it is in the first row of the chain, from how it is in the base of the last one. */
+        private int renewed(int lambda, int aroundThen, int stampThen) {
+            int around = aroundThen;
+            int stamp = stampThen;
             for (int i = chain.used - 1; i >= 0; i--) {
                 int sampleNow = sampleOf(chain.get(i));
                 int sampleThen = sampleOf(heap.at(chain.get(i), ITEM));
@@ -2650,15 +2685,16 @@ public final class WindwardScheme {
                     stamp = heap.at(sampleNow, STAMP) + later;
                 }
             }
-            return heap.make(CLOSURE, 0, heap.at(closure, CODE), around, stamp);
+            return heap.make(CLOSURE, 0, lambda, around, stamp);
         }
 
         /** Lets the values of a row be those of another one from its begin on. */
         void unpack(int row, int length, Row into) {
             if (heap.kindOf(row) != PACKED) {
                 int items = row;
+                boolean isAlone = heap.kindOf(row) != ITEMS;
                 for (int i = 0; i < length; i++) {
-                    into.put(i, heap.at(items, i % 3 + 1));
+                    into.put(i, isAlone ? row : heap.at(items, i % 3 + 1));
                     items = i % 3 < 2 ? items : heap.noteOf(items);
                 }
                 return;
@@ -2670,43 +2706,51 @@ public final class WindwardScheme {
             }
             for (int i = 0; i < length && bases > 1; i++) {
                 int value = drafts[0].get(i);
-                boolean isAsItWas = heap.at(value, AROUND) == drafts[1].get(i) && heap.at(value, STAMP) == drafts[2].get(i);
-                if (heap.kindOf(value) == CLOSURE && !isAsItWas) {
-                    value = heap.make(CLOSURE, 0, heap.at(value, CODE), drafts[1].get(i), drafts[2].get(i));
+                int around = drafts[1].get(i);
+                int stamp = drafts[2].get(i);
+                int valueKind = heap.kindOf(value);
+                boolean isAsItWas = heap.at(value, AROUND) == around && heap.at(value, STAMP) == stamp;
+                if (valueKind == LAMBDA || valueKind == CLOSURE && !isAsItWas) {
+                    int lambda = valueKind == LAMBDA ? value : heap.at(value, CODE);
+                    value = heap.make(CLOSURE, 0, lambda, around, stamp);
                 }
                 into.put(i, value);
             }
         }
 
-        /** Lets three drafts, the first of which is told, be what a packed row comes to, from the three of its base. */
+        /** Lets three drafts be what a packed row comes to, from those of its base; or just another row, if it has none. */
         private void unpackOne(int packed, int drafted, Row values, int sampleThen) {
             Row arounds = drafts[drafted + 1];
             Row stampsOf = drafts[drafted + 2];
             int items = heap.at(packed, EXTRA);
+            boolean isAlone = heap.kindOf(items) != ITEMS;
             int run = heap.at(packed, NEXT);
             int own = heap.noteOf(run) == SAMPLE ? 1 : 0;
-            int sampleNow = own == 1 ? heap.at(items, 1) : 0;
+            int sampleNow = own == 0 ? 0 : isAlone ? items : heap.at(items, 1);
+            boolean isDraft = values == drafts[drafted];
             int place = 0;
             for (int i = 0; i < MAX_ROW && run != 0; i++) {
                 int mode = heap.noteOf(run) & MODE_MASK;
+                int begin = place;
                 int end = place + (heap.noteOf(run) >> MODE_SHIFT);
                 int offset = mode == SELF ? -heap.at(run, ITEM) : heap.at(run, ITEM);
+                int other = mode == SELF ? drafted : 3 - drafted;
+                Row others = mode == SELF ? values : drafts[other];
                 for (; place < end; place++) {
-                    int other = mode == SELF ? drafted : 3 - drafted;
-                    int value = mode == SELF ? values.get(place + offset) : drafts[other].get(place + offset);
+                    int value = others.get(place + offset);
                     int around = drafts[other + 1].get(place + offset);
                     int stamp = drafts[other + 2].get(place + offset);
                     int later = stamp - heap.at(sampleThen, STAMP);
-                    if (mode == LITERAL) {
-                        value = heap.at(items, own % 3 + 1);
-                        around = heap.at(value, AROUND);
-                        stamp = heap.at(value, STAMP);
+                    if (mode % MADE == LITERAL) {
+                        value = isAlone ? items : heap.at(items, own % 3 + 1);
+                        around = heap.at(mode == MADE ? sampleNow : value, AROUND);
+                        stamp = heap.at(mode == MADE ? sampleNow : value, STAMP) + (mode == MADE ? offset + place - begin : 0);
+                        value = mode == LITERAL || isDraft ? value : heap.make(CLOSURE, 0, value, around, stamp);
                         items = own % 3 < 2 ? items : heap.noteOf(items);
                         own++;
                     } else if (mode == COPY
-                            && sampleThen != 0
                             && sampleNow != 0
-                            && heap.kindOf(value) == CLOSURE
+                            && sampleThen != 0
                             && around == heap.at(sampleThen, AROUND)
                             && later >= 0
                             && later < STAMPS) {
@@ -2769,10 +2813,11 @@ public final class WindwardScheme {
             int row = heap.at(around, ITEM);
             if (heap.kindOf(row) == PACKED) {
                 int length = heap.noteOf(row);
-                unpack(row, length, literals);
-                row = plain(literals, 0, length);
+                unpack(row, length, variables);
+                row = plain(variables, 0, length);
                 heap.put(around, ITEM, row);
             }
+            heap.setNote(around, IS_SET);
             int place = placeOf(slot);
             for (int i = 0; i < place / 3; i++) {
                 row = heap.noteOf(row);
@@ -2784,12 +2829,12 @@ public final class WindwardScheme {
         void packVariables(int environment) {
             int around = environment;
             for (int i = 0; i < MAX_LEVEL && around != 0; i++) {
-                int row = heap.at(around, ITEM);
-                boolean isPlain = heap.kindOf(around) == ENVIRONMENT && heap.kindOf(row) == ITEMS;
-                int length = isPlain ? countOf(row) : 0;
-                if (length > MOST_PLAIN && heap.freeCells > SLACK / 4 * 3) {
+                if (heap.noteOf(around) == IS_SET && heap.freeCells > SLACK / 4 * 3) {
+                    int row = heap.at(around, ITEM);
+                    int length = countOf(row);
                     unpack(row, length, variables);
                     heap.put(around, ITEM, pack(variables, 0, length, heap.at(around, EXTRA) << 2 | 3, environment));
+                    heap.setNote(around, 0);
                 }
                 around = heap.at(around, NEXT);
             }

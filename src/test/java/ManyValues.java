@@ -87,7 +87,7 @@ public final class ManyValues {
                 "(s30 " + times(18, "1") + ")");
         endless("closed over", "(s3 s50 (s0 ()))", "(s3 s30 (s2 (" + parameters + ") (s4 s50 (s16 (s2 () s31) s50)) "
                 + "(s30 " + parameters + ")))", "(s30 " + times(18, "1") + ")");
-        for (int count = 1; count <= 5; count++) {
+        for (int count = 1; count <= 9; count++) {
             endless(count + " closures", "(s3 s30 (s2 (" + symbols(31, count, "s%d") + ") (s10 1 (s30 "
                     + times(count, "(s2 () 1)") + "))))", "(s30 " + times(count, "1") + ")");
         }
