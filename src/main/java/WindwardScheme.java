@@ -2315,7 +2315,9 @@ public final class WindwardScheme {
         private static final int MIN_CHAIN = 8;
         private static final int MAX_TOKENS = 4096;
         private static final int WINDOW = 16;
-        private static final int LASTS = 256;
+        private static final int LASTS = 4096;
+        private static final int LASTS_SHIFT = 20;
+        private static final int MOST_TRIES = 65536;
         private static final int STAMPS = 65536;
         private static final int KINDS = 4;
         private static final int IS_SET = 1;
@@ -2346,7 +2348,7 @@ public final class WindwardScheme {
         private int knownWhen;
         private final Row tokens; // mode, length and offset of each run
         private final Row literals;
-        private final Row lasts; // the packed rows that can be bases, by their place
+        private final Row lasts; // the packed rows that can be bases, by their place: the last one and the one before
         private final Row lastKeys;
         private final Row chain; // a row, its base, the base of that, ..
         private final Row[] drafts; // what two of them come to: values, and the environments and stamps of closures
@@ -2363,7 +2365,7 @@ public final class WindwardScheme {
             knownOf = new Row(KINDS + 1, KINDS + 1);
             tokens = new Row(16, 4 * MAX_TOKENS);
             literals = new Row(16, MAX_ROW);
-            lasts = heap.newWeakRow(LASTS);
+            lasts = heap.newWeakRow(2 * LASTS);
             lastKeys = new Row(LASTS, LASTS);
             chain = new Row(16, 2 * MAX_CHAIN);
             drafts = new Row[6];
@@ -2382,6 +2384,56 @@ public final class WindwardScheme {
 
         /** A row of some values of another one; 0 if there are none. The key tells where it comes from, and its kind. */
         int pack(Row row, int first, int length, int key, int environment) {
+            // Closures are the only values that come together without an application for each.
+            if (lookAt(row, first, length, environment) < 2 && length <= MOST_PLAIN) {
+                return plain(row, first, length);
+            }
+            int kind = key & KINDS - 1;
+            int place = key * 0x9E3779B1 >>> LASTS_SHIFT;
+            boolean hasLast = length <= MOST_WITH_BASE && lastKeys.get(place) == key;
+            int base = hasLast ? lasts.get(2 * place) : 0;
+            int other = hasLast ? lasts.get(2 * place + 1) : 0;
+            int bases = countBases(base);
+            if (bases >= MIN_CHAIN && (bases & bases - 1) == 0) {
+                // A row without a base ends the chain, if it does not hold too much.
+                learn(0, kind);
+                findRuns();
+                base = literals.used <= bases || bases >= MAX_CHAIN ? 0 : base;
+            }
+            learn(base, kind);
+            findRuns();
+            int most = literals.used;
+            if (base != 0 && other != 0 && most > length / 4 && countBases(other) < MAX_CHAIN) {
+                // Rows may be like every other one from the same place.
+                learn(other, kind);
+                findRuns();
+                if (literals.used < most) {
+                    base = other;
+                } else {
+                    learn(base, kind);
+                    findRuns();
+                }
+            }
+            int runs = 0;
+            for (int i = tokens.used - 3; i >= 0; i -= 3) {
+                runs = heap.makeShared(RUN, tokens.get(i + 1) << MODE_SHIFT | tokens.get(i), tokens.get(i + 2), runs, 0);
+            }
+            int packed = heap.make(PACKED, length, base, runs, plain(literals, 0, literals.used));
+            if (length <= MOST_WITH_BASE) {
+                lasts.put(2 * place + 1, hasLast ? lasts.get(2 * place) : 0);
+                lasts.put(2 * place, packed);
+                lastKeys.put(place, key);
+                knownOf.put(kind, packed);
+                known.used = 0;
+                for (int i = first; i < first + length; i++) {
+                    known.add(row.get(i));
+                }
+            }
+            return packed;
+        }
+
+        /** Looks at the values that are packed; how many closures among them were made in the body at hand. */
+        private int lookAt(Row row, int first, int length, int environment) {
             from = row;
             start = first;
             count = length;
@@ -2392,38 +2444,7 @@ public final class WindwardScheme {
                 sample = isMadeHere && closures == 0 ? row.get(i) : sample;
                 closures += isMadeHere ? 1 : 0;
             }
-            // Closures are the only values that come together without an application for each.
-            if (length <= MOST_PLAIN && closures < 2) {
-                return plain(row, first, length);
-            }
-            boolean canBeBase = length <= MOST_WITH_BASE;
-            int place = (key ^ key >>> 8) & LASTS - 1;
-            int base = canBeBase && lastKeys.get(place) == key ? lasts.get(place) : 0;
-            int bases = countBases(base);
-            if (bases >= MIN_CHAIN && (bases & bases - 1) == 0) {
-                // A row without a base ends the chain, if it does not hold too much.
-                learn(0, 0);
-                findRuns();
-                base = literals.used <= bases || bases >= MAX_CHAIN ? 0 : base;
-            }
-            int kind = key & KINDS - 1;
-            learn(base, kind);
-            findRuns();
-            int runs = 0;
-            for (int i = tokens.used - 3; i >= 0; i -= 3) {
-                runs = heap.makeShared(RUN, tokens.get(i + 1) << MODE_SHIFT | tokens.get(i), tokens.get(i + 2), runs, 0);
-            }
-            int packed = heap.make(PACKED, length, base, runs, plain(literals, 0, literals.used));
-            if (canBeBase) {
-                lastKeys.put(place, key);
-                lasts.put(place, packed);
-                knownOf.put(kind, packed);
-                knowns[kind].used = 0;
-                for (int i = first; i < first + length; i++) {
-                    knowns[kind].add(row.get(i));
-                }
-            }
-            return packed;
+            return closures;
         }
 
         /** A row that is held plainly: one value is its own row. */
@@ -2494,6 +2515,7 @@ public final class WindwardScheme {
                 literals.add(sample);
             }
             int shift = 0;
+            int triesLeft = MOST_TRIES;
             int length;
             for (int i = 0; i < count; i += Math.max(1, length)) {
                 int mode = SELF;
@@ -2504,8 +2526,9 @@ public final class WindwardScheme {
                     offset = back;
                 }
                 // What was a few places away is looked for around where the last run was.
-                int tries = length > 0 ? 1 : 2 * known.used + 1;
+                int tries = length > 0 || triesLeft < 0 ? 1 : 2 * known.used + 1;
                 for (int j = 0; j < tries && known.used > 0; j++) {
+                    triesLeft--;
                     int near = (j & 1) == 0 ? shift + j / 2 : shift - (j + 1) / 2;
                     int copied = knownLength(i, near, true);
                     int raw = copied > 0 || sample == 0 || knownSample == 0 ? 0 : knownLength(i, near, false);
@@ -2532,6 +2555,7 @@ public final class WindwardScheme {
             int last = tokens.used - 3;
             int later = heap.at(value, STAMP) - heap.at(sample, STAMP);
             boolean isMade = heap.kindOf(value) == CLOSURE
+                    && tokens.used < 3 * MAX_TOKENS
                     && sample != 0
                     && heap.at(value, AROUND) == heap.at(sample, AROUND)
                     && later >= 0
@@ -2795,7 +2819,7 @@ public final class WindwardScheme {
             // A row in which many variables are looked for is unpacked once for all of them.
             misses = row == missed ? misses + 1 : 0;
             missed = row;
-            if (misses > MOST_MISSES) {
+            if (misses > MOST_MISSES && heap.noteOf(row) <= MOST_WITH_BASE) {
                 forget();
                 knownOf.put(KINDS, row);
                 unpack(row, heap.noteOf(row), knowns[KINDS]);
@@ -3019,6 +3043,7 @@ public final class WindwardScheme {
         private int level;
         final Row stack; // used as far as there are values
         int start; // where the procedure to be applied is, with its arguments behind it
+        int site; // the last cell of parts of the call that is to be applied; 0 if it is none
         int mode;
         int value;
         int environment;
@@ -3044,6 +3069,7 @@ public final class WindwardScheme {
             level = -1;
             stack.used = 0;
             start = 0;
+            site = 0;
         }
 
         /** Begins to evaluate a form by itself. */
@@ -3158,6 +3184,7 @@ public final class WindwardScheme {
                     stack.add(value);
                     if (!isNextBegun(cell)) {
                         start = places.get(level) >> PLACE_SHIFT;
+                        site = cell;
                         level--;
                         mode = APPLY;
                     }
@@ -3517,6 +3544,7 @@ public final class WindwardScheme {
             }
             Row stack = body.stack;
             int first = body.start + 1;
+            int key = lambda * 31 + body.site << 2;
             int left = list;
             for (int i = 0; i < parameters && list != 0; i++) {
                 stack.put(first + i, values.firstOf(left));
@@ -3527,7 +3555,7 @@ public final class WindwardScheme {
             if (hasRest && list != 0) {
                 rest = values.copyOf(left);
             } else if (extra > MOST_PAIRS) {
-                rest = values.listOf(values.pack(stack, first + parameters, extra, lambda << 2 | 2, body.environment));
+                rest = values.listOf(values.pack(stack, first + parameters, extra, key | 2, body.environment));
             } else {
                 for (int i = extra - 1; i >= 0; i--) {
                     rest = heap.make(PAIR, 0, stack.get(first + parameters + i), rest, 0);
@@ -3541,7 +3569,7 @@ public final class WindwardScheme {
             if (bound == 1) {
                 inner = heap.make(ONE_ENVIRONMENT, 0, stack.get(first), around, 0);
             } else if (bound > 1) {
-                int row = values.pack(stack, first, bound, lambda << 2 | 1, body.environment);
+                int row = values.pack(stack, first, bound, key | 1, body.environment);
                 inner = heap.make(ENVIRONMENT, 0, row, around, lambda);
             }
             due = ENTERING;

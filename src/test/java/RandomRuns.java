@@ -28,9 +28,9 @@ public final class RandomRuns {
         long seed = args.length > 1 ? Long.parseLong(args[1]) : 1;
         for (int i = 0; i < objects; i++) {
             RandomRuns runs = new RandomRuns(seed + i);
-            runs.one(i % 6);
+            runs.one(i % 7);
             if (runs.wrong > 0) {
-                System.out.println("seed " + (seed + i) + ", kind " + i % 6);
+                System.out.println("seed " + (seed + i) + ", kind " + i % 7);
                 for (String line : runs.history) System.out.println(line);
                 System.exit(1);
             }
@@ -167,6 +167,7 @@ public final class RandomRuns {
                 else if (kind == 3) readings();
                 else if (kind == 4) wildCalls();
                 else if (kind == 5) waitingProgram(i);
+                else if (kind == 6) deepProgram();
                 else program(kind == 1);
             }
         } catch (TooMuch e) {
@@ -640,6 +641,113 @@ public final class RandomRuns {
                 return "((lambda (s59) (s34 (s59) " + part(d, bound) + " (s59))) (lambda () (set " + target(bound) + " "
                         + part(d, bound) + ") " + target(bound) + "))";
         }
+    }
+
+    // ---- procedures with many parameters that apply themselves deeply, so that many values wait, and come back
+
+    private List<String> numbers;
+    private List<String> thunks;
+
+    private String numberForm(int depth) {
+        String number = numbers.get(random.nextInt(numbers.size()));
+        if (depth == 0) return chance(60) ? number : String.valueOf(random.nextInt(9));
+        switch (random.nextInt(9)) {
+            case 0:
+                return "(s10 " + number + " " + random.nextInt(3) + ")";
+            case 1:
+                return "(s11 " + numberForm(depth - 1) + " " + number + ")";
+            case 2:
+                return thunks.isEmpty() ? number : "(" + thunks.get(random.nextInt(thunks.size())) + ")";
+            case 3:
+                return "(begin (set " + number + " " + numberForm(depth - 1) + ") " + numberForm(depth - 1) + ")";
+            case 4:
+                return "(if (s14 " + number + " " + random.nextInt(9) + ") " + numberForm(depth - 1) + " " + numberForm(depth - 1) + ")";
+            case 5:
+                return "((lambda (s39) s39) " + numberForm(depth - 1) + ")";
+            case 6:
+                return "(s17 (s16 " + numberForm(depth - 1) + " " + number + "))";
+            default:
+                return numberForm(0);
+        }
+    }
+
+    private String thunkForm(int depth) {
+        String number = numbers.get(random.nextInt(numbers.size()));
+        String thunk = thunks.get(random.nextInt(thunks.size()));
+        if (depth == 0) return chance(50) ? thunk : "(lambda () " + numberForm(0) + ")";
+        switch (random.nextInt(5)) {
+            case 0:
+                return "(begin (set " + thunk + " " + thunkForm(depth - 1) + ") " + thunkForm(depth - 1) + ")";
+            case 1:
+                return "(lambda () (begin (set " + number + " " + numberForm(0) + ") " + number + "))";
+            default:
+                return thunkForm(0);
+        }
+    }
+
+    /** Forms for values, one behind the other in a text; what adds them up, if they are bound to s40 on, behind it. */
+    private String[] waiting(int count, int from) {
+        StringBuilder forms = new StringBuilder();
+        String sum = "";
+        for (int i = 0; i < count; i++) {
+            String name = "s" + (from + i);
+            boolean isThunk = !thunks.isEmpty() && chance(35);
+            forms.append(" ").append(isThunk ? thunkForm(chance(20) ? 1 : 0) : numberForm(chance(20) ? 2 : 0));
+            sum += "(s10 " + (isThunk ? "(" + name + ")" : name) + " ";
+        }
+        return new String[] {forms.toString(), sum};
+    }
+
+    private void deepProgram() throws Exception {
+        numbers = new ArrayList<>();
+        thunks = new ArrayList<>();
+        int count = 1 + random.nextInt(chance(50) ? 4 : 13);
+        for (int i = 0; i < count; i++) numbers.add("s" + (40 + i));
+        int thunkCount = chance(40) ? 0 : 1 + random.nextInt(6);
+        for (int i = 0; i < thunkCount; i++) thunks.add("s" + (53 + i));
+        String names = String.join(" ", numbers) + " " + String.join(" ", thunks);
+        StringBuilder all = new StringBuilder();
+        for (String number : numbers) all.append("(s10 ").append(number).append(" ");
+        for (String thunk : thunks) all.append("(s10 (").append(thunk).append(") ");
+        String sum = all + "0" + ")".repeat(count + thunkCount);
+        StringBuilder again = new StringBuilder("(s38 (s10 s59 1)");
+        boolean isShift = chance(50);
+        for (int i = 0; i < count; i++) {
+            again.append(" ").append(isShift && i > 0 ? numbers.get(i - 1) : numberForm(chance(20) ? 2 : 0));
+        }
+        for (int i = 0; i < thunkCount; i++) {
+            again.append(" ").append(isShift && i > 0 ? thunks.get(i - 1) : thunkForm(chance(20) ? 1 : 0));
+        }
+        again.append(")");
+        String[] ahead = waiting(random.nextInt(9), 40);
+        String[] behind = waiting(random.nextInt(5), 50);
+        int aheadCount = ahead[1].split("s10").length - 1;
+        int behindCount = behind[1].split("s10").length - 1;
+        StringBuilder bound = new StringBuilder();
+        for (int i = 0; i < aheadCount; i++) bound.append("s").append(40 + i).append(" ");
+        bound.append("s59 ");
+        for (int i = 0; i < behindCount; i++) bound.append("s").append(50 + i).append(" ");
+        lay1("(define s36 (lambda (" + bound + ") " + ahead[1] + behind[1] + "s59" + ")".repeat(aheadCount + behindCount) + "))");
+        lay1("(define s34 (lambda (s59) s59))");
+        int depth = 1 + random.nextInt(chance(70) ? 40 : 150);
+        String kept = chance(40) ? "(if (s15 s59 " + random.nextInt(depth) + ") (s22 (lambda (s37) (begin (set s34 s37) 0))) 0)" : "0";
+        String body = chance(20) ? again.toString() : "(s36" + ahead[0] + " (s10 " + kept + " " + again + ")" + behind[0] + ")";
+        String settings = chance(30) ? numberForm(2) + " " : "";
+        lay1("(define s38 (lambda (s59 " + names + ") " + settings + "(if (s14 s59 " + depth + ") " + body + " " + sum + ")))");
+        StringBuilder first = new StringBuilder("(s38 0");
+        for (int i = 0; i < count; i++) first.append(" ").append(random.nextInt(20));
+        for (int i = 0; i < thunkCount; i++) first.append(" (lambda () ").append(random.nextInt(20)).append(")");
+        longRun(first + ")");
+        longRun("(s34 3)");
+    }
+
+    private void longRun(String program) throws Exception {
+        history.add(program);
+        String state = call("begin", lay(words(program)));
+        for (int i = 0; i < 60 && state.equals("r") && wrong == 0; i++) state = call("run", 1 + random.nextInt(500));
+        call("error");
+        call("writeValue");
+        text();
     }
 
     // ---- wild calls

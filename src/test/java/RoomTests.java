@@ -235,6 +235,6 @@ public final class RoomTests {
     private static void manyObjects() throws IllegalAccessException {
         WindwardScheme x = new WindwardScheme();
         for (int i = 0; i < 500; i++) x.number(i, 7);
-        room("laid data alone", x, 50000);
+        room("laid data alone", x, 60000);
     }
 }
