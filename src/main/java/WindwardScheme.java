@@ -1868,13 +1868,15 @@ public final class WindwardScheme {
             }
         }
 
-        /** Gives back the bindings up to these. */
-        private void unbind(int outer) {
-            for (int i = 0; i < MAX_CELLS && bindings != outer && bindings != 0; i++) {
-                int next = heap.at(bindings, NEXT);
-                heap.release(bindings);
-                bindings = next;
+        /** Gives back the cells of bindings or rows up to others; these others. */
+        private int released(int first, int outer) {
+            int cell = first;
+            for (int i = 0; i < MAX_CELLS && cell != outer && cell != 0; i++) {
+                int next = heap.at(cell, NEXT);
+                heap.release(cell);
+                cell = next;
             }
+            return cell;
         }
 
         /** What a template comes to with the variables that are bound; 0 if it is wrong. */
@@ -1930,23 +1932,21 @@ public final class WindwardScheme {
             areRowsEven = true;
             addRows(template, level);
             int mine = rows;
-            if (mine == 0 || !areRowsEven) {
-                return -1;
-            }
-            int count = rowLength;
+            int count = areRowsEven ? rowLength : 0;
             int outer = bindings;
-            int parts = before;
+            int parts = mine == 0 || !areRowsEven ? -1 : before;
             for (int i = 0; i < count && parts >= 0; i++) {
                 int row = mine;
                 for (int j = 0; j < MAX_SIZE && row != 0; j++) {
                     int list = heap.at(row, EXTRA);
-                    bind(heap.at(row, ITEM), heap.at(list, FIRST), 0, level);
+                    bind(heap.at(row, ITEM), heap.at(list, FIRST), 0, 0);
                     heap.put(row, EXTRA, heap.at(list, REST));
                     row = heap.at(row, NEXT);
                 }
                 parts = added(build(template, level), parts);
-                unbind(outer);
+                bindings = released(bindings, outer);
             }
+            released(mine, 0);
             return parts;
         }
 
@@ -2850,10 +2850,10 @@ public final class WindwardScheme {
         }
 
         /** Packs the rows of the variables around that were set, so that environments that wait stay small. */
-        void packVariables(int environment) {
+        void packVariables(int environment, int reserve) {
             int around = environment;
             for (int i = 0; i < MAX_LEVEL && around != 0; i++) {
-                if (heap.noteOf(around) == IS_SET && heap.freeCells > SLACK / 4 * 3) {
+                if (heap.noteOf(around) == IS_SET && heap.freeCells > SLACK / 2 + reserve) {
                     int row = heap.at(around, ITEM);
                     int length = countOf(row);
                     unpack(row, length, variables);
@@ -3382,7 +3382,7 @@ public final class WindwardScheme {
         char goOn(int units) {
             int fuel = units;
             for (int i = 0; i < MAX_STEPS && status == 'r' && (body.mode != Body.APPLY || fuel > 0); i++) {
-                int needed = SLACK + 4 * body.countOfValues(frames);
+                int needed = SLACK + 5 * body.countOfValues(frames);
                 if (heap.freeCells < needed) {
                     save();
                     if (!heap.makeRoom(needed, RESERVE)) {
@@ -3413,7 +3413,7 @@ public final class WindwardScheme {
                     }
                     list = 0;
                     if (due != 0) {
-                        values.packVariables(body.waits() ? body.environment : 0);
+                        values.packVariables(body.waits() ? body.environment : 0, 5 * body.stack.used);
                         frames = body.leave(frames);
                         goInto(procedure);
                     }
