@@ -582,11 +582,15 @@ public final class WindwardScheme {
                 collect();
             }
             addChunks(cells);
-            if (made > 0 && freeCells < (chunkCount < MAX_CHUNKS ? cells : cells + reserve)) {
+            if (made > 0 && spareCells() < cells + reserve) {
                 collect();
                 addChunks(cells);
             }
-            return freeCells + (MAX_CHUNKS - chunkCount) * CHUNK_CELLS >= cells + reserve;
+            return spareCells() >= cells + reserve;
+        }
+
+        private int spareCells() {
+            return freeCells + (MAX_CHUNKS - chunkCount) * CHUNK_CELLS;
         }
 
         private void addChunks(int cells) {

@@ -18,6 +18,11 @@ public final class ManyValues {
         listsThatStay();
         controlThatWaits();
         comeBackTo();
+        settings();
+        manyClosures();
+        otherPlaces();
+        largePrograms();
+        comeBackToMany();
         System.out.println(wrong == 0 ? "all values are held" : wrong + " answers are not as due");
         if (wrong != 0) System.exit(1);
     }
@@ -25,9 +30,9 @@ public final class ManyValues {
     /** Runs the last program for as many calls as there are: it never ends. */
     private static void endless(String what, String... programs) throws IllegalAccessException {
         WindwardScheme x = new WindwardScheme();
-        for (int i = 0; i < programs.length - 1; i++) due(what + " " + i, RoomTests.finish(x, programs[i]), 'v');
+        for (int i = 0; i < programs.length - 1; i++) due(what + " " + i, finish(x, programs[i]), 'v');
         long before = x.applications();
-        x.begin(RoomTests.lay(x, programs[programs.length - 1]));
+        x.begin(lay(x, programs[programs.length - 1]));
         char state = x.state();
         for (int i = 0; i < 505 && state == 'r'; i++) state = x.run(500);
         due(what, state == 'e' ? "e " + x.error() : String.valueOf(state), 'r');
@@ -39,8 +44,8 @@ public final class ManyValues {
     /** Runs the last program until it comes to this value. */
     private static void comesTo(String what, String value, String... programs) throws IllegalAccessException {
         WindwardScheme x = new WindwardScheme();
-        for (int i = 0; i < programs.length - 1; i++) due(what + " " + i, RoomTests.finish(x, programs[i]), 'v');
-        x.begin(RoomTests.lay(x, programs[programs.length - 1]));
+        for (int i = 0; i < programs.length - 1; i++) due(what + " " + i, finish(x, programs[i]), 'v');
+        x.begin(lay(x, programs[programs.length - 1]));
         char state = x.state();
         for (int i = 0; i < 505 && state == 'r'; i++) state = x.run(500);
         due(what, state == 'e' ? "e " + x.error() : String.valueOf(state), 'v');
@@ -156,5 +161,142 @@ public final class ManyValues {
                 "(s3 s41 (s2 s31 s31))",
                 "(s3 s30 (s2 (s31 s32 s33 s34 s35) (s1 (s14 s31 30002) (s30 (s10 s31 1) s33 s34 s35 s32) (s41 s32 s33 s34 s35))))",
                 "(s30 0 1 2 3 4)");
+    }
+
+    // ---- programs that are too long for the text are laid by calls
+
+    private static int place;
+
+    private static int lay(WindwardScheme x, String program) {
+        if (program.length() <= 500) return RoomTests.lay(x, program);
+        place = 0;
+        return layOne(x, program);
+    }
+
+    private static char finish(WindwardScheme x, String program) {
+        x.begin(lay(x, program));
+        return x.run(500);
+    }
+
+    private static int layOne(WindwardScheme x, String program) {
+        while (program.charAt(place) == ' ') place++;
+        if (program.charAt(place) == '(') {
+            place++;
+            java.util.List<Integer> parts = new java.util.ArrayList<>();
+            while (true) {
+                while (program.charAt(place) == ' ') place++;
+                if (program.charAt(place) == ')') break;
+                parts.add(layOne(x, program));
+            }
+            place++;
+            return list(x, parts.stream().mapToInt(i -> i).toArray());
+        }
+        int start = place;
+        while (" ()".indexOf(program.charAt(place)) < 0) place++;
+        String atom = program.substring(start, place);
+        return atom.equals("#t") ? x.truth(true) : atom.equals("#f") ? x.truth(false)
+                : atom.startsWith("s") ? x.symbol(Integer.parseInt(atom.substring(1))) : x.number(Integer.parseInt(atom), 1);
+    }
+
+    private static int list(WindwardScheme x, int... parts) {
+        int list = x.empty();
+        for (int i = parts.length - 1; i >= 0; i--) list = x.pair(parts[i], list);
+        return list;
+    }
+
+    /** Symbols from one on, each with the next one, the last one with the first, in a form with %d and %e for them. */
+    private static String round(int from, int count, String form) {
+        StringBuilder text = new StringBuilder();
+        for (int i = 0; i < count; i++) {
+            text.append(form.replace("%d", String.valueOf(from + i)).replace("%e", String.valueOf(from + (i + 1) % count))).append(' ');
+        }
+        return text.toString();
+    }
+
+    /** Variables that are set ahead of each application, and wait as they were. */
+    private static void settings() throws IllegalAccessException {
+        endless("a variable further out", "(s3 s30 ((s2 (s31) (s2 () (s4 s31 (s10 s31 1)) (s10 " + times(60, "s31") + "(s30)))) 1))", "(s30)");
+        endless("parts with settings", "(s3 s40 1)", "(s3 s30 (s2 (s31) (s10 s31 " + symbols(1, 60, "(s5 (s4 s40 %d) s40)") + "(s30 (s10 s31 1)))))", "(s30 0)");
+        String[] programs = new String[27];
+        for (int i = 0; i < 24; i++) programs[i] = "(s3 s" + (31 + i) + " " + i + ")";
+        programs[24] = "(s3 s57 0)";
+        programs[25] = "(s3 s30 (s2 () (s4 s57 s31) " + round(31, 24, "(s4 s%d s%e)") + "(s4 s54 s57) (s10 " + symbols(31, 24, "s%d") + "(s30))))";
+        programs[26] = "(s30)";
+        endless("global variables go round", programs);
+        programs[25] = "(s3 s30 (s2 () " + symbols(31, 24, "(s4 s%d (s2 () 1))") + "(s10 " + symbols(31, 24, "s%d") + "(s30))))";
+        endless("global variables set to closures", programs);
+        String all = symbols(31, 20, "s%d");
+        String turned = "(s4 s57 s31) " + round(31, 20, "(s4 s%d s%e)") + "(s4 s50 s57) (s10 " + all;
+        endless("variables go round", "(s3 s57 0)", "(s3 s30 ((s2 (" + all + ") (s2 () " + turned + "(s30)))) " + symbols(1, 20, "%d") + "))", "(s30)");
+        endless("variables of each call go round", "(s3 s57 0)", "(s3 s30 (s2 (" + all + ") " + turned + "(s30 " + all + ") s31)))",
+                "(s30 " + symbols(1, 20, "%d") + ")");
+    }
+
+    private static void manyClosures() throws IllegalAccessException {
+        for (int count : new int[] {2, 8, 28}) {
+            String all = symbols(30, count, "s%d");
+            String made = times(count, "(s2 () s30)");
+            endless(count + " variables set to closures", "(s3 s59 0)", "(s3 s59 (s2 (" + all + ") " + symbols(30, count, "(s4 s%d (s2 () 1))") + "(s10 " + all
+                    + "(s59 " + all + ") s30)))", "(s59 " + symbols(1, count, "%d") + ")");
+            endless(count + " closures wait, others are arguments", "(s3 s59 0)", "(s3 s59 (s2 (" + all + ") (s10 " + made + "(s59 " + made + ") s30)))",
+                    "(s59 " + symbols(1, count, "%d") + ")");
+            endless(count + " closures wait, others are in a list", "(s3 s59 0)", "(s3 s59 (s2 s30 (s10 " + made + "(s59 " + made + ") s30)))",
+                    "(s59 " + symbols(1, count, "%d") + ")");
+        }
+        String all = symbols(31, 20, "s%d");
+        endless("closures go on", "(s3 s30 (s2 (" + all + ") (s10 1 (s30 (s2 () 1) (s2 () 2) " + symbols(31, 18, "s%d") + ") s31)))", "(s30 " + symbols(1, 20, "%d") + ")");
+        endless("closures and numbers", "(s3 s30 (s2 (s31) (s10 s31 " + times(40, "(s2 () s31) s31") + "(s30 (s10 s31 1)))))", "(s30 0)");
+    }
+
+    /** Values that come to other places, or from others every second time. */
+    private static void otherPlaces() throws IllegalAccessException {
+        String all = symbols(31, 20, "s%d");
+        endless("mixed up", "(s3 s30 (s2 (" + all + ") (s10 1 (s30 (s10 s31 1) s33 s41 s31 s48 s35 s32 s49 s37 s34 s45 s39 s36 s40 s43 s47 s44 s46 s42 s38) s31)))",
+                "(s30 " + symbols(1, 20, "%d") + ")");
+        String one = symbols(101, 23, "%d");
+        String other = symbols(201, 23, "%d");
+        String parameters = symbols(30, 24, "s%d");
+        endless("two calls by turns", "(s3 s59 0)", "(s3 s59 (s2 (" + parameters + ") (s10 1 (s1 s30 (s59 #f " + one + ") (s59 #t " + other + ")))))", "(s59 #f " + one + ")");
+        endless("two lists by turns", "(s3 s59 0)", "(s3 s57 (s0 (#f " + one + ")))", "(s3 s58 (s0 (#t " + other + ")))",
+                "(s3 s59 (s2 (" + parameters + ") (s10 1 (s24 s59 (s1 s30 s57 s58)))))", "(s24 s59 s57)");
+    }
+
+    /** Fifty programs, each of some 590,000 pairs and parts that come out of macros, are kept. */
+    private static void largePrograms() throws IllegalAccessException {
+        for (String form : new String[] {"(s10 1 1)", "(s2 (s33) s33)", "(s0 s33)"}) {
+            WindwardScheme x = new WindwardScheme();
+            int part = lay(x, form);
+            int parts = x.empty();
+            for (int i = 0; i < 290; i++) parts = x.pair(part, parts);
+            int rule = list(x, list(x, x.symbol(8)), x.pair(x.symbol(5), parts));
+            x.begin(list(x, x.symbol(6), x.symbol(50), x.empty(), rule));
+            due(form, x.run(1), 'v');
+            int use = list(x, x.symbol(50));
+            int uses = x.empty();
+            for (int i = 0; i < 199; i++) uses = x.pair(use, uses);
+            int lambda = x.pair(x.symbol(2), x.pair(x.empty(), uses));
+            for (int i = 0; i < 40; i++) {
+                due(form + " " + i, x.begin(list(x, x.symbol(3), x.symbol(10 + i), lambda)), 'r');
+                due(form + " " + i, x.run(1), 'v');
+            }
+            due(form + " expansions", x.expansions(), 40 * 199);
+            RoomTests.room(form, x, 1000000);
+        }
+    }
+
+    /** What waits with many others is come back to: each call adds up what waited for it. */
+    private static void comeBackToMany() throws IllegalAccessException {
+        String parameters = symbols(31, 12, "s%d");
+        StringBuilder sum = new StringBuilder();
+        for (int i = 0; i < 12; i++) sum.append("(s10 ").append(i % 2 == 0 ? "s" + (31 + i) : "(s" + (31 + i) + ")").append(' ');
+        String added = "(s3 s58 (s2 (" + parameters + "s43) " + sum + "s43" + ")".repeat(12) + "))";
+        String waiting = times(6, "s31 (s2 () s31)");
+        // n calls add up 12 times 0 to n - 1.
+        comesTo("numbers and closures", String.valueOf(12L * 2000 * 1999 / 2), added,
+                "(s3 s30 (s2 (s31) (s1 (s14 s31 2000) (s58 " + waiting + "(s30 (s10 s31 1))) 0)))", "(s30 0)");
+        String turned = symbols(32, 11, "s%d") + "s31";
+        comesTo("arguments that go round", String.valueOf(78L * 3000), "(s3 s58 (s2 (" + parameters + "s43) " + sum.toString().replaceAll("\\((s\\d+)\\)", "$1") + "s43" + ")".repeat(12) + "))",
+                "(s3 s30 (s2 (s59 " + parameters + ") (s1 (s14 s59 3000) (s58 " + parameters + "(s30 (s10 s59 1) " + turned + ")) 0)))",
+                "(s30 0 " + symbols(1, 12, "%d") + ")");
     }
 }
