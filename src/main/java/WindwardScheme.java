@@ -2305,9 +2305,9 @@ public final class WindwardScheme {
      *
      * <p>A few values in a row are held as they are. More of them, or more than one closure, are packed, since a run can
      * hold hundreds ahead of each application: as runs of values that are like others of the row, or like those of an
-     * earlier row from the same place, its base; just the others are held. A closure that was made where the row was is
-     * like one of its base if it has the same code, the environment of the first closure made there, and was made as long
-     * after that one.
+     * earlier row from the same place, its base; just the others are held. Closures are made anew in each row: such a one
+     * is like one of the base if it has the same code, the environment of a closure that is held, a sample, and was made
+     * as long after the sample as that of the base after a sample of the base.
      *
      * <p>A VIEW is a list that looks like a row of values from a place on, like another list, or like a datum whose pairs
      * are made anew; but it is a list of its own by its stamp. So nothing is copied.
@@ -2324,17 +2324,21 @@ public final class WindwardScheme {
         private static final int MOST_TRIES = 65536;
         private static final int STAMPS = 65536;
         private static final int KINDS = 4;
+        private static final int DRAFTS = 4;
+        private static final int SAMPLES = 3;
         private static final int IS_SET = 1;
         private static final int MOST_MISSES = 2;
         // What a run is: values of its own, those of the row some places back, those of the base some places on, with
-        // closures made anew or as they are, closures made there one behind the other, of which the lambdas are its own.
-        // SAMPLE is no run: the first value of its own is the first closure made there.
+        // closures made anew or as they are; a closure of its own that is a sample, closures made one behind the other,
+        // of which the lambdas are its own. The offset of these tells how long after which sample the first one was made.
+        // The samples come ahead of all else of its own.
         private static final int LITERAL = 0;
         private static final int SELF = 1;
         private static final int COPY = 2;
         private static final int RAW = 3;
         private static final int SAMPLE = 4;
         private static final int MADE = 5;
+        private static final int MOST_SAMPLES = 7;
         private static final int MODE_MASK = 7;
         private static final int MODE_SHIFT = 3;
 
@@ -2344,18 +2348,18 @@ public final class WindwardScheme {
         private Row from;
         private int start;
         private int count;
-        private int sample;
         private Row known;
-        private int knownSample;
+        private final Row knownSamples;
         private final Row[] knowns; // what some packed rows come to: the last ones of each kind of place, and one looked for
         private final Row knownOf;
         private int knownWhen;
         private final Row tokens; // mode, length and offset of each run
-        private final Row literals;
+        private final Row literals; // what the row holds of its own, behind the places of samples
+        private final Row samples;
         private final Row lasts; // the packed rows that can be bases, by their place: the last one and the one before
         private final Row lastKeys;
         private final Row chain; // a row, its base, the base of that, ..
-        private final Row[] drafts; // what two of them come to: values, and the environments and stamps of closures
+        private final Row[] drafts; // what two of them come to: values, environments and stamps of closures, and samples
         private final Row variables;
         private int missed; // the row in which a variable was looked for last, and how often
         private int misses;
@@ -2371,8 +2375,10 @@ public final class WindwardScheme {
             literals = new Row(16, MAX_ROW);
             lasts = heap.newWeakRow(2 * LASTS);
             lastKeys = new Row(LASTS, LASTS);
-            chain = new Row(16, 2 * MAX_CHAIN);
-            drafts = new Row[6];
+            chain = new Row(16, 4 * MAX_CHAIN);
+            samples = new Row(MOST_SAMPLES, MOST_SAMPLES);
+            knownSamples = new Row(MOST_SAMPLES, MOST_SAMPLES);
+            drafts = new Row[2 * DRAFTS];
             for (int i = 0; i < drafts.length; i++) {
                 drafts[i] = new Row(16, MOST_WITH_BASE);
             }
@@ -2387,9 +2393,9 @@ public final class WindwardScheme {
         // ---- rows of values
 
         /** A row of some values of another one; 0 if there are none. The key tells where it comes from, and its kind. */
-        int pack(Row row, int first, int length, int key, int environment) {
+        int pack(Row row, int first, int length, int key) {
             // Closures are the only values that come together without an application for each.
-            if (lookAt(row, first, length, environment) < 2 && length <= MOST_PLAIN) {
+            if (lookAt(row, first, length) < 2 && length <= MOST_PLAIN) {
                 return plain(row, first, length);
             }
             int kind = key & KINDS - 1;
@@ -2402,27 +2408,23 @@ public final class WindwardScheme {
                 // A row without a base ends the chain, if it does not hold too much.
                 learn(0, kind);
                 findRuns();
-                base = literals.used <= bases || bases >= MAX_CHAIN ? 0 : base;
+                base = countOfOwn() <= bases || bases >= MAX_CHAIN ? 0 : base;
             }
             learn(base, kind);
             findRuns();
-            int most = literals.used;
+            int most = countOfOwn();
             if (base != 0 && other != 0 && most > length / 4 && countBases(other) < MAX_CHAIN) {
                 // Rows may be like every other one from the same place.
                 learn(other, kind);
                 findRuns();
-                if (literals.used < most) {
+                if (countOfOwn() < most) {
                     base = other;
                 } else {
                     learn(base, kind);
                     findRuns();
                 }
             }
-            int runs = 0;
-            for (int i = tokens.used - 3; i >= 0; i -= 3) {
-                runs = heap.makeShared(RUN, tokens.get(i + 1) << MODE_SHIFT | tokens.get(i), tokens.get(i + 2), runs, 0);
-            }
-            int packed = heap.make(PACKED, length, base, runs, plain(literals, 0, literals.used));
+            int packed = made(base);
             if (length <= MOST_WITH_BASE) {
                 lasts.put(2 * place + 1, hasLast ? lasts.get(2 * place) : 0);
                 lasts.put(2 * place, packed);
@@ -2436,19 +2438,30 @@ public final class WindwardScheme {
             return packed;
         }
 
-        /** Looks at the values that are packed; how many closures among them were made in the body at hand. */
-        private int lookAt(Row row, int first, int length, int environment) {
+        /** Looks at the values that are to be packed; how many closures there are. */
+        private int lookAt(Row row, int first, int length) {
             from = row;
             start = first;
             count = length;
-            sample = 0;
             int closures = 0;
             for (int i = first; i < first + length; i++) {
-                boolean isMadeHere = heap.kindOf(row.get(i)) == CLOSURE && heap.at(row.get(i), AROUND) == environment;
-                sample = isMadeHere && closures == 0 ? row.get(i) : sample;
-                closures += isMadeHere ? 1 : 0;
+                closures += heap.kindOf(row.get(i)) == CLOSURE ? 1 : 0;
             }
             return closures;
+        }
+
+        /** Makes the row of the runs that have been found. */
+        private int made(int base) {
+            int runs = 0;
+            for (int i = tokens.used - 3; i >= 0; i -= 3) {
+                runs = heap.makeShared(RUN, tokens.get(i + 1) << MODE_SHIFT | tokens.get(i), tokens.get(i + 2), runs, 0);
+            }
+            int first = MOST_SAMPLES - samples.used;
+            for (int i = 0; i < samples.used; i++) {
+                literals.put(first + i, samples.get(i));
+            }
+            int own = plain(literals, first, literals.used - first);
+            return heap.make(PACKED, count << MODE_SHIFT | samples.used, base, runs, own);
         }
 
         /** A row that is held plainly: one value is its own row. */
@@ -2477,20 +2490,21 @@ public final class WindwardScheme {
             return chain.used;
         }
 
-        /** The first closure that was made where a packed row was; 0 if there is none. */
-        private int sampleOf(int packed) {
-            int own = heap.noteOf(heap.at(packed, NEXT)) == SAMPLE ? heap.at(packed, EXTRA) : 0;
-            return heap.kindOf(own) == ITEMS ? heap.at(own, 1) : own;
+        private int countOfOwn() {
+            return literals.used - MOST_SAMPLES + samples.used;
         }
 
-        /** Looks at the values of a base, which is the last row of this kind or another one. */
+        /** Looks at the values of a base. */
         private void learn(int base, int kind) {
             known = knowns[kind];
-            knownSample = sampleOf(base);
+            knownSamples.used = heap.noteOf(base) & MOST_SAMPLES;
+            for (int i = 0; i < knownSamples.used; i++) {
+                knownSamples.put(i, plainValue(heap.at(base, EXTRA), i));
+            }
             if (base == 0 || base != knownOf.get(kind) || knownWhen != heap.collections) {
                 forget();
                 knownOf.put(kind, base);
-                known.used = base == 0 ? 0 : heap.noteOf(base);
+                known.used = base == 0 ? 0 : countOf(base);
                 unpack(base, known.used, known);
             }
         }
@@ -2513,11 +2527,8 @@ public final class WindwardScheme {
 
         private void findRuns() {
             tokens.used = 0;
-            literals.used = 0;
-            if (sample != 0) {
-                addToken(SAMPLE, 0, 0);
-                literals.add(sample);
-            }
+            literals.used = MOST_SAMPLES;
+            samples.used = 0;
             int shift = 0;
             int triesLeft = MOST_TRIES;
             int length;
@@ -2534,8 +2545,8 @@ public final class WindwardScheme {
                 for (int j = 0; j < tries && known.used > 0; j++) {
                     triesLeft--;
                     int near = (j & 1) == 0 ? shift + j / 2 : shift - (j + 1) / 2;
-                    int copied = knownLength(i, near, true);
-                    int raw = copied > 0 || sample == 0 || knownSample == 0 ? 0 : knownLength(i, near, false);
+                    int copied = knownLength(i, near, Math.min(samples.used, knownSamples.used));
+                    int raw = copied > 0 || samples.used == 0 ? 0 : knownLength(i, near, 0);
                     if (copied + raw > length) {
                         mode = copied > 0 ? COPY : RAW;
                         length = copied + raw;
@@ -2550,28 +2561,45 @@ public final class WindwardScheme {
                     addToken(mode, length, offset);
                 } else {
                     length = 1;
-                    addLiteral(from.get(start + i));
+                    addOwn(from.get(start + i));
                 }
             }
         }
 
-        private void addLiteral(int value) {
-            int last = tokens.used - 3;
-            int later = heap.at(value, STAMP) - heap.at(sample, STAMP);
-            boolean isMade = heap.kindOf(value) == CLOSURE
-                    && tokens.used < 3 * MAX_TOKENS
-                    && sample != 0
-                    && heap.at(value, AROUND) == heap.at(sample, AROUND)
-                    && later >= 0
-                    && later < STAMPS;
+        private void addOwn(int value) {
+            boolean isClosure = heap.kindOf(value) == CLOSURE && tokens.used < 3 * MAX_TOKENS;
+            int sample = isClosure ? likeSample(samples, samples.used, value) : -1;
+            if (isClosure && sample < 0 && samples.used < MOST_SAMPLES) {
+                samples.put(samples.used, value);
+                samples.used++;
+                addToken(SAMPLE, 1, 0);
+                return;
+            }
+            boolean isMade = sample >= 0;
+            int later = heap.at(value, STAMP) - heap.at(samples.get(sample), STAMP);
             int mode = isMade ? MADE : LITERAL;
+            int offset = isMade ? later << MODE_SHIFT | sample : 0;
+            int last = tokens.used - 3;
             int length = tokens.get(last + 1);
-            if (last >= 0 && tokens.get(last) == mode && (!isMade || tokens.get(last + 2) + length == later)) {
+            boolean goesOn = last >= 0 && tokens.get(last) == mode;
+            if (goesOn && (!isMade || tokens.get(last + 2) + (length << MODE_SHIFT) == offset)) {
                 tokens.put(last + 1, length + 1);
             } else {
-                addToken(mode, 1, isMade ? later : 0);
+                addToken(mode, 1, offset);
             }
             literals.add(isMade ? heap.at(value, CODE) : value);
+        }
+
+        /** Which one of some samples has the environment of a closure that was made after it; -1 if there is none. */
+        private int likeSample(Row someSamples, int most, int closure) {
+            for (int i = 0; i < most; i++) {
+                int sample = someSamples.get(i);
+                int later = heap.at(closure, STAMP) - heap.at(sample, STAMP);
+                if (heap.at(closure, AROUND) == heap.at(sample, AROUND) && later >= 0 && later < STAMPS) {
+                    return i;
+                }
+            }
+            return -1;
         }
 
         /** How many values from a place on are like those some places back. */
@@ -2583,24 +2611,22 @@ public final class WindwardScheme {
             return length;
         }
 
-        /** How many values from a place on are like those of the base some places on. */
-        private int knownLength(int place, int shift, boolean areRenewed) {
-            boolean canBeRenewed = areRenewed && sample != 0 && knownSample != 0;
-            int aroundNow = heap.at(sample, AROUND);
-            int aroundThen = heap.at(knownSample, AROUND);
-            int gap = heap.at(sample, STAMP) - heap.at(knownSample, STAMP);
+        /** How many values from a place on are like those of the base some places on, with some samples. */
+        private int knownLength(int place, int shift, int most) {
             int length = 0;
             for (int i = place; i < count && i + shift >= 0 && i + shift < known.used; i++) {
                 int value = from.get(start + i);
                 int old = known.get(i + shift);
-                boolean isOld = canBeRenewed && heap.kindOf(old) == CLOSURE && heap.at(old, AROUND) == aroundThen;
-                int later = isOld ? heap.at(old, STAMP) - heap.at(knownSample, STAMP) : -1;
-                boolean isLike = later >= 0 && later < STAMPS
-                        ? heap.kindOf(value) == CLOSURE
-                                && heap.at(value, CODE) == heap.at(old, CODE)
-                                && heap.at(value, AROUND) == aroundNow
-                                && heap.at(value, STAMP) - heap.at(old, STAMP) == gap
-                        : heap.areSame(value, old);
+                int sample = most > 0 && heap.kindOf(old) == CLOSURE ? likeSample(knownSamples, most, old) : -1;
+                boolean isLike = heap.areSame(value, old);
+                if (sample >= 0) {
+                    int now = samples.get(sample);
+                    int later = heap.at(old, STAMP) - heap.at(knownSamples.get(sample), STAMP);
+                    isLike = heap.kindOf(value) == CLOSURE
+                            && heap.at(value, CODE) == heap.at(old, CODE)
+                            && heap.at(value, AROUND) == heap.at(now, AROUND)
+                            && heap.at(value, STAMP) == heap.at(now, STAMP) + later;
+                }
                 if (!isLike) {
                     return length;
                 }
@@ -2611,7 +2637,7 @@ public final class WindwardScheme {
 
         int countOf(int row) {
             if (heap.kindOf(row) == PACKED) {
-                return heap.noteOf(row);
+                return heap.noteOf(row) >> MODE_SHIFT;
             }
             if (heap.kindOf(row) != ITEMS) {
                 return row == 0 ? 0 : 1;
@@ -2651,25 +2677,31 @@ public final class WindwardScheme {
         private int packedValue(int row, int index) {
             int at = row;
             int place = index;
-            int sampleThere = 0;
+            int sample = 0;
             int later = 0;
             chain.used = 0;
             for (int step = 0; step < MAX_ROW && heap.kindOf(at) == PACKED; step++) {
                 int run = heap.at(at, NEXT);
-                int own = heap.noteOf(run) == SAMPLE ? 1 : 0;
-                run = own == 1 ? heap.at(run, NEXT) : run;
+                int own = heap.noteOf(at) & MOST_SAMPLES;
+                int samplesAhead = 0;
                 int begin = 0;
                 for (int i = 0; i < MAX_ROW && run != 0 && place >= begin + (heap.noteOf(run) >> MODE_SHIFT); i++) {
                     int length = heap.noteOf(run) >> MODE_SHIFT;
+                    int mode = heap.noteOf(run) & MODE_MASK;
                     begin += length;
-                    own += (heap.noteOf(run) & MODE_MASK) % MADE == LITERAL ? length : 0;
+                    own += mode % MADE == LITERAL ? length : 0;
+                    samplesAhead += mode == SAMPLE ? 1 : 0;
                     run = heap.at(run, NEXT);
                 }
                 int offset = heap.at(run, ITEM);
                 switch (heap.noteOf(run) & MODE_MASK) {
+                    case SAMPLE:
+                        at = heap.at(at, EXTRA);
+                        place = samplesAhead;
+                        break;
                     case MADE:
-                        sampleThere = sampleOf(at);
-                        later = offset + place - begin;
+                        sample = plainValue(heap.at(at, EXTRA), offset & MODE_MASK);
+                        later = (offset >> MODE_SHIFT) + place - begin;
                         at = heap.at(at, EXTRA);
                         place += own - begin;
                         break;
@@ -2680,22 +2712,18 @@ public final class WindwardScheme {
                     case SELF:
                         place = offset > 0 ? begin - offset + (place - begin) % offset : 0;
                         break;
-                    case COPY:
-                        chain.add(at);
-                        at = heap.at(at, ITEM);
-                        place += offset;
-                        break;
                     default:
+                        chain.add(at);
+                        chain.add((heap.noteOf(run) & MODE_MASK) == COPY ? samplesAhead : 0);
                         at = heap.at(at, ITEM);
                         place += offset;
                 }
             }
             int value = plainValue(at, place);
-            int valueKind = heap.kindOf(value);
-            if (valueKind == LAMBDA) {
-                return renewed(value, heap.at(sampleThere, AROUND), heap.at(sampleThere, STAMP) + later);
+            if (heap.kindOf(value) == LAMBDA) {
+                return renewed(value, heap.at(sample, AROUND), heap.at(sample, STAMP) + later);
             }
-            boolean isClosure = valueKind == CLOSURE && chain.used > 0;
+            boolean isClosure = heap.kindOf(value) == CLOSURE && chain.used > 0;
             return isClosure ? renewed(heap.at(value, CODE), heap.at(value, AROUND), heap.at(value, STAMP)) : value;
         }
 
@@ -2703,14 +2731,18 @@ public final class WindwardScheme {
         private int renewed(int lambda, int aroundThen, int stampThen) {
             int around = aroundThen;
             int stamp = stampThen;
-            for (int i = chain.used - 1; i >= 0; i--) {
-                int sampleNow = sampleOf(chain.get(i));
-                int sampleThen = sampleOf(heap.at(chain.get(i), ITEM));
-                int later = stamp - heap.at(sampleThen, STAMP);
-                boolean isMadeThere = sampleNow != 0 && sampleThen != 0 && around == heap.at(sampleThen, AROUND);
-                if (isMadeThere && later >= 0 && later < STAMPS) {
-                    around = heap.at(sampleNow, AROUND);
-                    stamp = heap.at(sampleNow, STAMP) + later;
+            for (int i = chain.used - 2; i >= 0; i -= 2) {
+                int own = heap.at(chain.get(i), EXTRA);
+                int base = heap.at(chain.get(i), ITEM);
+                int most = Math.min(chain.get(i + 1), heap.noteOf(base) & MOST_SAMPLES);
+                for (int j = 0; j < most; j++) {
+                    int old = plainValue(heap.at(base, EXTRA), j);
+                    int later = stamp - heap.at(old, STAMP);
+                    if (around == heap.at(old, AROUND) && later >= 0 && later < STAMPS) {
+                        around = heap.at(plainValue(own, j), AROUND);
+                        stamp = heap.at(plainValue(own, j), STAMP) + later;
+                        break;
+                    }
                 }
             }
             return heap.make(CLOSURE, 0, lambda, around, stamp);
@@ -2719,20 +2751,111 @@ public final class WindwardScheme {
         /** Lets the values of a row be those of another one from its begin on. */
         void unpack(int row, int length, Row into) {
             if (heap.kindOf(row) != PACKED) {
-                int items = row;
-                boolean isAlone = heap.kindOf(row) != ITEMS;
-                for (int i = 0; i < length; i++) {
-                    into.put(i, isAlone ? row : heap.at(items, i % 3 + 1));
-                    items = i % 3 < 2 ? items : heap.noteOf(items);
-                }
+                unpackPlain(row, length, into);
                 return;
             }
             int bases = countBases(row);
             for (int i = bases - 1; i >= 0; i--) {
-                int base = chain.get(i + 1);
-                unpackOne(chain.get(i), i % 2 * 3, bases == 1 ? into : drafts[i % 2 * 3], i < bases - 1 ? sampleOf(base) : 0);
+                int drafted = i % 2 * DRAFTS;
+                Row values = bases == 1 ? into : drafts[drafted];
+                int items = heap.at(chain.get(i), EXTRA);
+                int own = unpackSamples(chain.get(i), drafts[drafted + SAMPLES]);
+                items = own < 3 ? items : own < 6 ? heap.noteOf(items) : heap.noteOf(heap.noteOf(items));
+                int samplesAhead = 0;
+                int place = 0;
+                int run = heap.at(chain.get(i), NEXT);
+                for (int j = 0; j < MAX_ROW && run != 0; j++) {
+                    int runLength = heap.noteOf(run) >> MODE_SHIFT;
+                    int mode = heap.noteOf(run) & MODE_MASK;
+                    if (mode % MADE == LITERAL) {
+                        items = unpackOwn(run, items, own, place, values, drafted);
+                        own += runLength;
+                    } else {
+                        unpackLike(run, place, samplesAhead, values, drafted);
+                        samplesAhead += mode == SAMPLE ? 1 : 0;
+                    }
+                    place += runLength;
+                    run = heap.at(run, NEXT);
+                }
             }
-            for (int i = 0; i < length && bases > 1; i++) {
+            if (bases > 1) {
+                makeClosures(length, into);
+            }
+        }
+
+        private void unpackPlain(int row, int length, Row into) {
+            int items = row;
+            boolean isAlone = heap.kindOf(row) != ITEMS;
+            for (int i = 0; i < length; i++) {
+                into.put(i, isAlone ? row : heap.at(items, i % 3 + 1));
+                items = i % 3 < 2 ? items : heap.noteOf(items);
+            }
+        }
+
+        /** Lets a row be the samples of a packed row; how many they are. */
+        private int unpackSamples(int packed, Row into) {
+            int items = heap.at(packed, EXTRA);
+            boolean isAlone = heap.kindOf(items) != ITEMS;
+            into.used = heap.noteOf(packed) & MOST_SAMPLES;
+            for (int i = 0; i < into.used; i++) {
+                into.put(i, isAlone ? items : heap.at(items, i % 3 + 1));
+                items = i % 3 < 2 ? items : heap.noteOf(items);
+            }
+            return into.used;
+        }
+
+        /** Drafts the values of a run that the row holds, from a place in its items on; the items behind them. */
+        private int unpackOwn(int run, int items, int own, int place, Row values, int drafted) {
+            boolean isMade = (heap.noteOf(run) & MODE_MASK) == MADE;
+            int length = heap.noteOf(run) >> MODE_SHIFT;
+            int offset = heap.at(run, ITEM);
+            int sample = drafts[drafted + SAMPLES].get(offset & MODE_MASK);
+            boolean isAlone = heap.kindOf(items) != ITEMS;
+            int cell = items;
+            for (int i = 0; i < length; i++) {
+                int value = isAlone ? cell : heap.at(cell, (own + i) % 3 + 1);
+                int around = heap.at(isMade ? sample : value, AROUND);
+                int stamp = isMade ? heap.at(sample, STAMP) + (offset >> MODE_SHIFT) + i : heap.at(value, STAMP);
+                boolean isDue = isMade && values != drafts[drafted];
+                values.put(place + i, isDue ? heap.make(CLOSURE, 0, value, around, stamp) : value);
+                drafts[drafted + 1].put(place + i, around);
+                drafts[drafted + 2].put(place + i, stamp);
+                cell = isAlone || (own + i) % 3 < 2 ? cell : heap.noteOf(cell);
+            }
+            return cell;
+        }
+
+        /** Drafts the values of a run that are like others, or a sample. */
+        private void unpackLike(int run, int place, int samplesAhead, Row values, int drafted) {
+            int mode = heap.noteOf(run) & MODE_MASK;
+            int length = heap.noteOf(run) >> MODE_SHIFT;
+            int other = mode == SELF ? drafted : DRAFTS - drafted;
+            int offset = mode == SELF ? -heap.at(run, ITEM) : heap.at(run, ITEM);
+            Row others = mode == SELF ? values : drafts[other];
+            Row now = drafts[drafted + SAMPLES];
+            Row then = drafts[other + SAMPLES];
+            int most = mode == COPY ? Math.min(samplesAhead, then.used) : 0;
+            for (int i = place; i < place + length; i++) {
+                int value = mode == SAMPLE ? now.get(samplesAhead) : others.get(i + offset);
+                int around = mode == SAMPLE ? heap.at(value, AROUND) : drafts[other + 1].get(i + offset);
+                int stamp = mode == SAMPLE ? heap.at(value, STAMP) : drafts[other + 2].get(i + offset);
+                for (int j = 0; j < most; j++) {
+                    int later = stamp - heap.at(then.get(j), STAMP);
+                    if (around == heap.at(then.get(j), AROUND) && later >= 0 && later < STAMPS) {
+                        around = heap.at(now.get(j), AROUND);
+                        stamp = heap.at(now.get(j), STAMP) + later;
+                        break;
+                    }
+                }
+                values.put(i, value);
+                drafts[drafted + 1].put(i, around);
+                drafts[drafted + 2].put(i, stamp);
+            }
+        }
+
+        /** Lets the values of a row be the drafted ones, with closures as they are there. */
+        private void makeClosures(int length, Row into) {
+            for (int i = 0; i < length; i++) {
                 int value = drafts[0].get(i);
                 int around = drafts[1].get(i);
                 int stamp = drafts[2].get(i);
@@ -2743,53 +2866,6 @@ public final class WindwardScheme {
                     value = heap.make(CLOSURE, 0, lambda, around, stamp);
                 }
                 into.put(i, value);
-            }
-        }
-
-        /** Lets three drafts be what a packed row comes to, from those of its base; or just another row, if it has none. */
-        private void unpackOne(int packed, int drafted, Row values, int sampleThen) {
-            Row arounds = drafts[drafted + 1];
-            Row stampsOf = drafts[drafted + 2];
-            int items = heap.at(packed, EXTRA);
-            boolean isAlone = heap.kindOf(items) != ITEMS;
-            int run = heap.at(packed, NEXT);
-            int own = heap.noteOf(run) == SAMPLE ? 1 : 0;
-            int sampleNow = own == 0 ? 0 : isAlone ? items : heap.at(items, 1);
-            boolean isDraft = values == drafts[drafted];
-            int place = 0;
-            for (int i = 0; i < MAX_ROW && run != 0; i++) {
-                int mode = heap.noteOf(run) & MODE_MASK;
-                int begin = place;
-                int end = place + (heap.noteOf(run) >> MODE_SHIFT);
-                int offset = mode == SELF ? -heap.at(run, ITEM) : heap.at(run, ITEM);
-                int other = mode == SELF ? drafted : 3 - drafted;
-                Row others = mode == SELF ? values : drafts[other];
-                for (; place < end; place++) {
-                    int value = others.get(place + offset);
-                    int around = drafts[other + 1].get(place + offset);
-                    int stamp = drafts[other + 2].get(place + offset);
-                    int later = stamp - heap.at(sampleThen, STAMP);
-                    if (mode % MADE == LITERAL) {
-                        value = isAlone ? items : heap.at(items, own % 3 + 1);
-                        around = heap.at(mode == MADE ? sampleNow : value, AROUND);
-                        stamp = heap.at(mode == MADE ? sampleNow : value, STAMP) + (mode == MADE ? offset + place - begin : 0);
-                        value = mode == LITERAL || isDraft ? value : heap.make(CLOSURE, 0, value, around, stamp);
-                        items = own % 3 < 2 ? items : heap.noteOf(items);
-                        own++;
-                    } else if (mode == COPY
-                            && sampleNow != 0
-                            && sampleThen != 0
-                            && around == heap.at(sampleThen, AROUND)
-                            && later >= 0
-                            && later < STAMPS) {
-                        around = heap.at(sampleNow, AROUND);
-                        stamp = heap.at(sampleNow, STAMP) + later;
-                    }
-                    values.put(place, value);
-                    arounds.put(place, around);
-                    stampsOf.put(place, stamp);
-                }
-                run = heap.at(run, NEXT);
             }
         }
 
@@ -2823,10 +2899,10 @@ public final class WindwardScheme {
             // A row in which many variables are looked for is unpacked once for all of them.
             misses = row == missed ? misses + 1 : 0;
             missed = row;
-            if (misses > MOST_MISSES && heap.noteOf(row) <= MOST_WITH_BASE) {
+            if (misses > MOST_MISSES && countOf(row) <= MOST_WITH_BASE) {
                 forget();
                 knownOf.put(KINDS, row);
-                unpack(row, heap.noteOf(row), knowns[KINDS]);
+                unpack(row, countOf(row), knowns[KINDS]);
             }
             return packedValue(row, placeOf(slot));
         }
@@ -2840,7 +2916,7 @@ public final class WindwardScheme {
             }
             int row = heap.at(around, ITEM);
             if (heap.kindOf(row) == PACKED) {
-                int length = heap.noteOf(row);
+                int length = countOf(row);
                 unpack(row, length, variables);
                 row = plain(variables, 0, length);
                 heap.put(around, ITEM, row);
@@ -2861,7 +2937,7 @@ public final class WindwardScheme {
                     int row = heap.at(around, ITEM);
                     int length = countOf(row);
                     unpack(row, length, variables);
-                    heap.put(around, ITEM, pack(variables, 0, length, heap.at(around, EXTRA) << 2 | 3, environment));
+                    heap.put(around, ITEM, pack(variables, 0, length, heap.at(around, EXTRA) << 2 | 3));
                     heap.setNote(around, 0);
                 }
                 around = heap.at(around, NEXT);
@@ -3249,7 +3325,7 @@ public final class WindwardScheme {
                 return frames;
             }
             int path = pathHere();
-            int row = values.pack(stack, 0, stack.used, path << 2, environment);
+            int row = values.pack(stack, 0, stack.used, path << 2);
             int frame = heap.make(BODY_FRAME, path, row, frames, environment);
             reset();
             return frame;
@@ -3559,7 +3635,7 @@ public final class WindwardScheme {
             if (hasRest && list != 0) {
                 rest = values.copyOf(left);
             } else if (extra > MOST_PAIRS) {
-                rest = values.listOf(values.pack(stack, first + parameters, extra, key | 2, body.environment));
+                rest = values.listOf(values.pack(stack, first + parameters, extra, key | 2));
             } else {
                 for (int i = extra - 1; i >= 0; i--) {
                     rest = heap.make(PAIR, 0, stack.get(first + parameters + i), rest, 0);
@@ -3573,7 +3649,7 @@ public final class WindwardScheme {
             if (bound == 1) {
                 inner = heap.make(ONE_ENVIRONMENT, 0, stack.get(first), around, 0);
             } else if (bound > 1) {
-                int row = values.pack(stack, first, bound, key | 1, body.environment);
+                int row = values.pack(stack, first, bound, key | 1);
                 inner = heap.make(ENVIRONMENT, 0, row, around, lambda);
             }
             due = ENTERING;
