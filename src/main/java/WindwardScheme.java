@@ -152,8 +152,10 @@ public final class WindwardScheme {
     private static final int KEPT = 128;
     private static final int GRAY = 256;
     private static final int NOTE_SHIFT = 9;
-    // Cells that are free ahead of each step, so that none is looked for within it; and those that stay free for data.
-    private static final int SLACK = 16384;
+    // Cells that are free ahead of each step, so that none is looked for within it: of one that is small, and of one in
+    // which a datum or list as large as can be is made. And those that stay free for data.
+    private static final int STEP = 1024;
+    private static final int SLACK = 8192;
     private static final int RESERVE = 65536;
 
     // Bounds of loops and recursions that no run comes near to.
@@ -516,8 +518,11 @@ public final class WindwardScheme {
         private static final int MAX_ROOTS = 16;
         private static final int MIN_DUE = 8192;
         private static final int MAX_STACK = 8192;
+        // Few cells are known again in a small heap.
         private static final int SHARED = 16384;
         private static final int SHARED_SHIFT = 18;
+        private static final int FEW_SHARED_SHIFT = 22;
+        private static final int FEW_CHUNKS = 64;
 
         private final Row[] chunks;
         private int chunkCount;
@@ -567,8 +572,8 @@ public final class WindwardScheme {
             return row;
         }
 
-        Row newWeakRow(int length) {
-            Row row = new Row(length, length);
+        Row newWeakRow(int most) {
+            Row row = new Row(16, most);
             if (weakCount < weak.length) {
                 weak[weakCount] = row;
                 weakCount++;
@@ -633,7 +638,7 @@ public final class WindwardScheme {
         /** A cell that is never changed: one like it that was made before, if that is still known. */
         int makeShared(int cellKind, int note, int one, int two, int three) {
             int hash = ((((cellKind * 31 + note) * 31 + one) * 31 + two) * 31 + three) * 0x9E3779B1;
-            int place = hash >>> SHARED_SHIFT;
+            int place = hash >>> (chunkCount < FEW_CHUNKS ? FEW_SHARED_SHIFT : SHARED_SHIFT);
             int cell = shared.get(place);
             if (cell != 0
                     && (at(cell, HEAD) & ~(MARKED | KEPT | GRAY)) == (cellKind | note << NOTE_SHIFT)
@@ -819,7 +824,7 @@ public final class WindwardScheme {
         private void forgetUnmarked() {
             for (int i = 0; i < weakCount && i < weak.length; i++) {
                 Row row = weak[i];
-                for (int j = 0; row != null && j < row.used; j++) {
+                for (int j = 0; row != null && j < row.words.length; j++) {
                     if (row.get(j) != 0 && (at(row.get(j), HEAD) & (MARKED | KEPT)) == 0) {
                         row.put(j, 0);
                     }
@@ -1211,7 +1216,7 @@ public final class WindwardScheme {
 
         /** Writes a datum, or the slot of a program: the length of the text; -1 if it would be too long. */
         int putAll(boolean isProgram, int subject) {
-            if (!isProgram && heap.freeCells < MOST_MADE) {
+            if (heap.freeCells < MOST_MADE) {
                 heap.makeRoom(MOST_MADE, 0);
             }
             drafted = 0;
@@ -2030,15 +2035,17 @@ public final class WindwardScheme {
             outcomes.put(0, program);
             boolean isRight = true;
             for (int i = 0; i < MAX_STEPS && isRight && level >= 0; i++) {
-                isRight = makeRoom(SLACK);
-                int form = isRight ? nextForm() : 0;
+                int form = nextForm();
+                outcomes.put(level, form);
+                isRight = makeRoom(STEP + 4 * (store.measureOf(form) & SIZE_MASK));
+                outcomes.put(level, 0);
                 int symbol = keywordOrMacro(form);
                 if (isRight && form == 0) {
                     closeLevel();
                 } else if (isRight && store.meaningOf(symbol) == MACRO) {
                     int rule = macros.fittingRule(store.rulesOf(symbol), form, scopes.get(level));
                     outcomes.put(level, form);
-                    isRight = rule != 0 && used < MAX_EXPANSIONS && makeRoom(2 * SLACK + cellsFor(rule));
+                    isRight = rule != 0 && used < MAX_EXPANSIONS && makeRoom(SLACK + 2 * cellsFor(rule));
                     used += isRight ? 1 : 0;
                     outcomes.put(level, isRight ? macros.build(macros.templateOf(rule, form), 0) : 0);
                     isRight = outcomes.get(level) != 0;
@@ -2053,7 +2060,8 @@ public final class WindwardScheme {
             lists.fillWithZeros();
             scopes.fillWithZeros();
             outcomes.fillWithZeros();
-            slots.used = 0;
+            // The code of the program stays until another one is expanded.
+            slots.used = isRight ? 1 : 0;
             return isRight ? slots.get(0) : 0;
         }
 
@@ -2344,6 +2352,7 @@ public final class WindwardScheme {
 
         private final Heap heap;
         private int stamps;
+        int largest; // of the rows that were packed, as far as they can be bases
         // The row that is packed, and what its base comes to.
         private Row from;
         private int start;
@@ -2351,8 +2360,7 @@ public final class WindwardScheme {
         private Row known;
         private final Row knownSamples;
         private final Row[] knowns; // what some packed rows come to: the last ones of each kind of place, and one looked for
-        private final Row knownOf;
-        private int knownWhen;
+        private final Row knownOf; // and behind the last one as of which collection
         private final Row tokens; // mode, length and offset of each run
         private final Row literals; // what the row holds of its own, behind the places of samples
         private final Row samples;
@@ -2370,11 +2378,11 @@ public final class WindwardScheme {
             for (int i = 0; i < knowns.length; i++) {
                 knowns[i] = new Row(16, MOST_WITH_BASE);
             }
-            knownOf = new Row(KINDS + 1, KINDS + 1);
+            knownOf = new Row(KINDS + 2, KINDS + 2);
             tokens = new Row(16, 4 * MAX_TOKENS);
             literals = new Row(16, MAX_ROW);
             lasts = heap.newWeakRow(2 * LASTS);
-            lastKeys = new Row(LASTS, LASTS);
+            lastKeys = new Row(16, LASTS);
             chain = new Row(16, 4 * MAX_CHAIN);
             samples = new Row(MOST_SAMPLES, MOST_SAMPLES);
             knownSamples = new Row(MOST_SAMPLES, MOST_SAMPLES);
@@ -2398,6 +2406,7 @@ public final class WindwardScheme {
             if (lookAt(row, first, length) < 2 && length <= MOST_PLAIN) {
                 return plain(row, first, length);
             }
+            largest = Math.max(largest, Math.min(length, MOST_WITH_BASE));
             int kind = key & KINDS - 1;
             int place = key * 0x9E3779B1 >>> LASTS_SHIFT;
             boolean hasLast = length <= MOST_WITH_BASE && lastKeys.get(place) == key;
@@ -2501,7 +2510,7 @@ public final class WindwardScheme {
             for (int i = 0; i < knownSamples.used; i++) {
                 knownSamples.put(i, plainValue(heap.at(base, EXTRA), i));
             }
-            if (base == 0 || base != knownOf.get(kind) || knownWhen != heap.collections) {
+            if (base == 0 || base != knownOf.get(kind) || knownOf.get(KINDS + 1) != heap.collections) {
                 forget();
                 knownOf.put(kind, base);
                 known.used = base == 0 ? 0 : countOf(base);
@@ -2511,9 +2520,9 @@ public final class WindwardScheme {
 
         /** Forgets what rows come to, if a collection came in between. */
         private void forget() {
-            if (knownWhen != heap.collections) {
-                knownWhen = heap.collections;
+            if (knownOf.get(KINDS + 1) != heap.collections) {
                 knownOf.fillWithZeros();
+                knownOf.put(KINDS + 1, heap.collections);
             }
         }
 
@@ -2665,7 +2674,7 @@ public final class WindwardScheme {
 
         /** What a packed row comes to, if that is known; otherwise null. */
         private Row knownValues(int row) {
-            for (int i = 0; i < knowns.length && knownWhen == heap.collections; i++) {
+            for (int i = 0; i < knowns.length && knownOf.get(KINDS + 1) == heap.collections; i++) {
                 if (knownOf.get(i) == row) {
                     return knowns[i];
                 }
@@ -2933,7 +2942,7 @@ public final class WindwardScheme {
         void packVariables(int environment, int reserve) {
             int around = environment;
             for (int i = 0; i < MAX_LEVEL && around != 0; i++) {
-                if (heap.noteOf(around) == IS_SET && heap.freeCells > SLACK / 2 + reserve) {
+                if (heap.noteOf(around) == IS_SET && heap.freeCells > STEP / 2 + 8 * largest + reserve) {
                     int row = heap.at(around, ITEM);
                     int length = countOf(row);
                     unpack(row, length, variables);
@@ -3462,7 +3471,7 @@ public final class WindwardScheme {
         char goOn(int units) {
             int fuel = units;
             for (int i = 0; i < MAX_STEPS && status == 'r' && (body.mode != Body.APPLY || fuel > 0); i++) {
-                int needed = SLACK + 5 * body.countOfValues(frames);
+                int needed = STEP + 5 * body.countOfValues(frames) + 16 * values.largest + (list == 0 ? 0 : 2 * SLACK);
                 if (heap.freeCells < needed) {
                     save();
                     if (!heap.makeRoom(needed, RESERVE)) {
