@@ -45,7 +45,7 @@ public final class WindwardScheme {
     private static final int RENAMED = 3; // the name under it, its mark
     private static final int TRUTH = 4; // 1 or 0
     private static final int EMPTY = 5;
-    private static final int PAIR = 6; // first part, other part, measure; note: see Expander
+    private static final int PAIR = 6; // first part, other part, measure or, if a program made it, length; note: see Expander
     private static final int NOTHING = 7;
     private static final int CLOSURE = 8; // lambda, environment, stamp
     private static final int PRIMITIVE = 9; // its symbol
@@ -1848,13 +1848,13 @@ public final class WindwardScheme {
             return store.symbolOf(part) == symbol && store.find(part, scope) == 0;
         }
 
-        /** Binds the variables of a rule that fits; its template. */
-        int templateOf(int rule, int form) {
+        /** What the template of a rule that fits comes to, by a new mark; 0 if it is wrong. */
+        int outcomeOf(int rule, int form) {
             mark++;
             size = 0;
             bindings = 0;
             bind(heap.at(heap.at(rule, FIRST), REST), heap.at(form, REST), 0, 0);
-            return heap.at(heap.at(rule, REST), FIRST);
+            return build(heap.at(heap.at(rule, REST), FIRST), 0);
         }
 
         /** Binds the variables of a pattern; below an ellipsis all of them to its list, with the pattern of its row. */
@@ -1889,7 +1889,7 @@ public final class WindwardScheme {
         }
 
         /** What a template comes to with the variables that are bound; 0 if it is wrong. */
-        int build(int template, int level) {
+        private int build(int template, int level) {
             if (level > MAX_LEVEL) {
                 return 0;
             }
@@ -2047,7 +2047,7 @@ public final class WindwardScheme {
                     outcomes.put(level, form);
                     isRight = rule != 0 && used < MAX_EXPANSIONS && makeRoom(SLACK + 2 * cellsFor(rule));
                     used += isRight ? 1 : 0;
-                    outcomes.put(level, isRight ? macros.build(macros.templateOf(rule, form), 0) : 0);
+                    outcomes.put(level, isRight ? macros.outcomeOf(rule, form) : 0);
                     isRight = outcomes.get(level) != 0;
                 } else if (isRight) {
                     int slot = symbol >= 0 ? keywordForm(symbol, form) : plainForm(form);
@@ -2335,6 +2335,8 @@ public final class WindwardScheme {
         private static final int DRAFTS = 4;
         private static final int SAMPLES = 3;
         private static final int IS_SET = 1;
+        private static final int NO_LENGTH = -1;
+        private static final int UNKNOWN_LENGTH = -2;
         private static final int MOST_MISSES = 2;
         // What a run is: values of its own, those of the row some places back, those of the base some places on, with
         // closures made anew or as they are; a closure of its own that is a sample, closures made one behind the other,
@@ -3029,25 +3031,41 @@ public final class WindwardScheme {
             return heap.make(VIEW, 0, copied, stamp, stamp);
         }
 
+        /** A new pair, which bears the length of its list, if that is known, so that it is not counted again and again. */
+        int pairOf(int first, int rest) {
+            int length = quickLength(rest);
+            return heap.make(PAIR, 0, first, rest, length >= 0 ? NO_LENGTH - 2 - length : length == NO_LENGTH ? length : 0);
+        }
+
+        /** The length of a list if it is known; NO_LENGTH if it is no list, UNKNOWN_LENGTH if it must be counted. */
+        private int quickLength(int list) {
+            boolean isView = heap.kindOf(list) == VIEW;
+            int cell = isView ? heap.at(list, ITEM) : list;
+            switch (heap.kindOf(cell)) {
+                case EMPTY:
+                    return 0;
+                case ITEMS:
+                case PACKED:
+                    return countOf(cell) - heap.at(list, NEXT);
+                case PAIR:
+                    int noted = heap.at(cell, MEASURE);
+                    return noted >= 0 ? UNKNOWN_LENGTH : noted == NO_LENGTH ? NO_LENGTH : NO_LENGTH - 1 - noted;
+                case COPIED:
+                    return UNKNOWN_LENGTH;
+                default:
+                    return NO_LENGTH;
+            }
+        }
+
         /** The number of parts of a list; -1 if it does not end with the empty list. */
         int lengthOf(int list) {
             int cell = list;
-            int length = 0;
-            for (int i = 0; i < MAX_STEPS; i++) {
-                int place = 0;
-                if (heap.kindOf(cell) == VIEW) {
-                    place = heap.at(cell, NEXT);
-                    cell = heap.at(cell, ITEM);
+            for (int length = 0; length < MAX_CELLS; length++) {
+                int left = quickLength(cell);
+                if (left != UNKNOWN_LENGTH) {
+                    return left == NO_LENGTH ? -1 : length + left;
                 }
-                int cellKind = heap.kindOf(cell);
-                if (cellKind == ITEMS || cellKind == PACKED) {
-                    return length + countOf(cell) - place;
-                }
-                if (cellKind != PAIR && cellKind != COPIED) {
-                    return cellKind == EMPTY ? length : -1;
-                }
-                length++;
-                cell = heap.at(cell, REST);
+                cell = heap.at(heap.kindOf(cell) == VIEW ? heap.at(cell, ITEM) : cell, REST);
             }
             return -1;
         }
@@ -3058,7 +3076,7 @@ public final class WindwardScheme {
         int answer(int symbol, int one, int other) {
             switch (symbol) {
                 case 16:
-                    return heap.make(PAIR, 0, one, other, 0);
+                    return pairOf(one, other);
                 case 19:
                     return truthCell(isPair(one));
                 case 20:
@@ -3647,7 +3665,7 @@ public final class WindwardScheme {
                 rest = values.listOf(values.pack(stack, first + parameters, extra, key | 2));
             } else {
                 for (int i = extra - 1; i >= 0; i--) {
-                    rest = heap.make(PAIR, 0, stack.get(first + parameters + i), rest, 0);
+                    rest = values.pairOf(stack.get(first + parameters + i), rest);
                 }
             }
             if (hasRest) {
