@@ -31,6 +31,7 @@ public final class LanguageRules {
         face();
         members();
         lengths(bare);
+        depths();
         need(source.chars().allMatch(c -> c == '\n' || c >= 32 && c < 127), "rule 4: a sign that is not 32 to 126");
         System.out.println(wrong == 0 ? "no broken rule was found" : wrong + " rules are broken");
         if (wrong != 0) System.exit(1);
@@ -109,5 +110,77 @@ public final class LanguageRules {
                 if (lines[j].endsWith(";") && lines[j].startsWith(open.group(1)) && lines[j].charAt(open.group(1).length()) != ' ') break;
             }
         }
+    }
+
+    // ---- how deep calls go
+
+    private static final java.util.Map<String, Set<String>> CALLS = new java.util.TreeMap<>();
+
+    /** Calls that are no recursion go at most eight deep, counted from a method of the face; as javap tells them. */
+    private static void depths() throws IOException {
+        java.util.Optional<java.util.spi.ToolProvider> javap = java.util.spi.ToolProvider.findFirst("javap");
+        if (javap.isEmpty()) {
+            System.out.println("no javap: the depth of calls is not looked at");
+            return;
+        }
+        Path place = Path.of(WindwardScheme.class.getProtectionDomain().getCodeSource().getLocation().getPath());
+        for (Class<?> c : WindwardScheme.class.getDeclaredClasses()) readCalls(javap.get(), place, c.getName());
+        readCalls(javap.get(), place, "WindwardScheme");
+        for (String method : CALLS.keySet()) {
+            if (!method.startsWith("WindwardScheme.")) continue;
+            int depth = depth(method, new java.util.HashMap<>());
+            need(depth <= 8, "rule 11: calls of " + method + " go " + depth + " deep");
+        }
+    }
+
+    private static void readCalls(java.util.spi.ToolProvider javap, Path place, String name) {
+        java.io.StringWriter text = new java.io.StringWriter();
+        java.io.PrintWriter out = new java.io.PrintWriter(text);
+        javap.run(out, out, "-c", "-p", place.resolve(name + ".class").toString());
+        String method = null;
+        for (String line : text.toString().split("\n")) {
+            Matcher head = Pattern.compile("^  (?! ).*?([\\w$.]+)\\(.*\\).*;$").matcher(line);
+            Matcher call = Pattern.compile("invoke\\w+ .*// (?:Interface)?Method ([^:]+):").matcher(line);
+            if (head.find()) {
+                method = name + "." + (head.group(1).equals(name) ? "<init>" : head.group(1));
+                CALLS.computeIfAbsent(method, key -> new TreeSet<>());
+            } else if (call.find() && method != null) {
+                String called = call.group(1).replace("\"", "");
+                called = called.contains(".") ? called : name + "." + called;
+                if (called.startsWith("WindwardScheme")) CALLS.get(method).add(called);
+            }
+        }
+    }
+
+    /** Methods that call one another count as one. */
+    private static int depth(String method, java.util.Map<String, Integer> known) {
+        Integer before = known.get(method);
+        if (before != null) return before;
+        Set<String> group = new TreeSet<>();
+        for (String other : reached(method)) if (reached(other).contains(method)) group.add(other);
+        group.add(method);
+        int deepest = 0;
+        for (String one : group) {
+            for (String called : CALLS.getOrDefault(one, Set.of())) {
+                if (!group.contains(called)) deepest = Math.max(deepest, depth(called, known));
+            }
+        }
+        known.put(method, deepest + 1);
+        return deepest + 1;
+    }
+
+    private static final java.util.Map<String, Set<String>> REACHED = new java.util.HashMap<>();
+
+    private static Set<String> reached(String method) {
+        Set<String> all = REACHED.get(method);
+        if (all != null) return all;
+        all = new TreeSet<>();
+        java.util.ArrayDeque<String> open = new java.util.ArrayDeque<>(CALLS.getOrDefault(method, Set.of()));
+        while (!open.isEmpty()) {
+            String one = open.remove();
+            if (all.add(one)) open.addAll(CALLS.getOrDefault(one, Set.of()));
+        }
+        REACHED.put(method, all);
+        return all;
     }
 }
