@@ -50,7 +50,7 @@ public final class WindwardScheme {
     private static final int CLOSURE = 8; // lambda, environment, stamp
     private static final int PRIMITIVE = 9; // its symbol
     private static final int CONTINUATION = 10; // frames, winds, handlers
-    private static final int VIEW = 11; // what it is a list of, place in it, stamp: see Values
+    private static final int VIEW = 11; // what it is a list of, place in it, stamp; note: how many values a row has
     private static final int COPIED = 12; // first part, other part; note: which pair of its datum it is
     // Kinds of cells: what macros and lambdas are seen by.
     private static final int LINK = 13; // item, next
@@ -58,39 +58,46 @@ public final class WindwardScheme {
     private static final int BINDING = 15; // name or pattern, next, what it matches; note: pattern of a row: see Macros
     // Kinds of cells: rows of values: see Values.
     private static final int ITEMS = 16; // three values; note: next
-    private static final int PACKED = 17; // base, runs, literal values; note: how many values
-    private static final int RUN = 18; // offset, next; note: length and mode
-    // Kinds of cells: what variables are bound to.
-    private static final int ONE_ENVIRONMENT = 19; // value, the environment around
-    private static final int ENVIRONMENT = 20; // row of values, the environment around, lambda; note: whether one was set
+    private static final int OWN = 17; // episode, place in it, depth
+    private static final int JOINED = 18; // row, row behind it, place in the first one and depth; note: values of the first one
+    private static final int LISTED = 19; // list, depth
+    // Kinds of cells: episodes.
+    private static final int BEGUN = 20; // slot of a body, environment, stamp
+    private static final int RESUMED = 21; // value, environment, stamp; note: path
+    // Kinds of cells: what variables are bound to: see Variables.
+    private static final int ONE_ENVIRONMENT = 22; // value or version, the environment around
+    private static final int ENVIRONMENT = 23; // row or version, the environment around, lambda; note: versions and depth
+    private static final int SETTING = 24; // value, the version before, stamp; note: place
+    private static final int SETTINGS = 25; // episode, the version before, stamp; note: mask of places
+    private static final int ALL_SET = 26; // row, the version before, stamp; note: the one before of this kind
     // Kinds of cells: code.
-    private static final int PARTS = 21; // three slots; note: next
-    private static final int LAMBDA = 22; // twice the parameters and 1 for a rest, parts of the body
-    private static final int SET_LOCAL = 23; // variable, slot
-    private static final int SET_GLOBAL = 24; // symbol, slot
-    private static final int DEFINITION = 25; // symbol, slot
-    private static final int SYNTAX = 26; // symbol, literals and rules
+    private static final int PARTS = 27; // three slots; note: next
+    private static final int LAMBDA = 28; // twice the parameters and 1 for a rest, parts of the body
+    private static final int SET_LOCAL = 29; // variable, slot
+    private static final int SET_GLOBAL = 30; // symbol, slot
+    private static final int DEFINITION = 31; // symbol, slot
+    private static final int SYNTAX = 32; // symbol, literals and rules
     // Kinds of cells: what is still to be done.
-    private static final int PATH = 27; // slot of the form with its part at hand, path of the form around, place
-    private static final int BODY_FRAME = 28; // row of values, next, environment; note: path
-    private static final int HANDLER_FRAME = 29; // handlers to come back to, next
-    private static final int PROMPT_FRAME = 30; // handler, next, continuation of the prompt
-    private static final int BEFORE_FRAME = 31; // wind, next, during
-    private static final int DURING_FRAME = 32; // wind, next
-    private static final int AFTER_FRAME = 33; // value, next
-    private static final int JUMP_FRAME = 34; // goal, next, innermost wind that stays
-    private static final int ENTER_FRAME = 35; // goal, next, wind to be entered
+    private static final int PATH = 33; // slot of the form with its part at hand, path of the form around, place
+    private static final int BODY_FRAME = 34; // row of values, next, environment; note: path
+    private static final int HANDLER_FRAME = 35; // handlers to come back to, next
+    private static final int PROMPT_FRAME = 36; // handler, next, continuation of the prompt
+    private static final int BEFORE_FRAME = 37; // wind, next, during
+    private static final int DURING_FRAME = 38; // wind, next
+    private static final int AFTER_FRAME = 39; // value, next
+    private static final int JUMP_FRAME = 40; // goal, next, innermost wind that stays
+    private static final int ENTER_FRAME = 41; // goal, next, wind to be entered
     // Kinds of cells: what frames and registers hold.
-    private static final int WIND = 36; // thunks, the wind around it, handlers; note: a wind further out
-    private static final int THUNKS = 37; // before, after, how many winds there are with it
-    private static final int HANDLER = 38; // procedure, the handler around it, how many handlers there are with it
-    private static final int GOAL = 39; // continuation, value, procedure that takes it or 0
+    private static final int WIND = 42; // thunks, the wind around it, handlers; note: a wind further out
+    private static final int THUNKS = 43; // before, after, how many winds there are with it
+    private static final int HANDLER = 44; // procedure, the handler around it, how many handlers there are with it
+    private static final int GOAL = 45; // continuation, value, procedure that takes it or 0
 
     // The fields of a cell that name other cells, by kind: 1 the first field, 2 the second, 4 the third, 8 the note;
     // and those that are slots: 16 the first field, 32 the second, 64 the third.
     private static final byte[] REFERENCES = {
-        0, 0, 0, 1, 0, 0, 3, 0, 3, 0, 7, 1, 3, 3, 3, 7, 15, 7, 2, 3, 7, 120, 2, 32, 32, 32, 2, 18, 15, 3, 7, 7, 3, 3, 7, 7,
-        15, 3, 3, 7
+        0, 0, 0, 1, 0, 0, 3, 0, 3, 0, 7, 1, 3, 3, 3, 7, 15, 1, 3, 1, 18, 11, 3, 7, 3, 3, 11, 120, 2, 32, 32, 32, 2, 18, 15, 3,
+        7, 7, 3, 3, 7, 7, 15, 3, 3, 7
     };
 
     // The fields of cells, by the names that fit their kinds.
@@ -144,7 +151,7 @@ public final class WindwardScheme {
     // The heap: a cell is two words of a chunk, each with two of its fields; the head is kind, flags and note.
     private static final int CHUNK_BITS = 10;
     private static final int CHUNK_CELLS = 1024;
-    private static final int MAX_CHUNKS = 3150;
+    private static final int MAX_CHUNKS = 3100;
     private static final int MAX_CELLS = MAX_CHUNKS * CHUNK_CELLS;
     private static final long LOW_WORD = 0xFFFFFFFFL;
     private static final int KIND_MASK = 63;
@@ -162,25 +169,25 @@ public final class WindwardScheme {
     private static final int MAX_STEPS = 2000000000;
     private static final int MAX_LEVEL = 104;
     private static final int MAX_ROW = 163840;
+    private static final int MOST_STACKED = 400000;
 
     private final Store store;
     private final Writer writer;
     private final Reader reader;
     private final Expander expander;
     private final Machine machine;
-    private final Counts counts;
 
     public WindwardScheme() {
         Heap heap = new Heap();
         Store laid = new Store(heap);
         Values values = new Values(heap);
-        Counts counted = new Counts();
+        Variables variables = new Variables(heap, laid, values);
+        Body body = new Body(heap, values, variables);
         store = laid;
-        counts = counted;
-        writer = new Writer(heap, values);
+        writer = new Writer(heap, values, body);
         reader = new Reader();
         expander = new Expander(heap, laid, values);
-        machine = new Machine(heap, laid, values, counted);
+        machine = new Machine(heap, values, variables, body);
     }
 
     // ---- data
@@ -308,7 +315,7 @@ public final class WindwardScheme {
         needDatum(datum);
         machine.stop();
         int program = expander.expand(store.cellOf(datum));
-        counts.expansions += expander.used;
+        machine.count(Machine.EXPANSIONS, expander.used);
         return machine.start(program, expander.letter);
     }
 
@@ -348,7 +355,7 @@ public final class WindwardScheme {
         if (machine.stateNow() != 'e') {
             throw new NoSuchElementException("the run did not end with an error");
         }
-        return machine.status;
+        return machine.letter();
     }
 
     public int winds() throws IllegalStateException {
@@ -388,37 +395,38 @@ public final class WindwardScheme {
     // ---- counts
 
     public long applications() {
-        return counts.applications;
+        return machine.tally(Machine.APPLICATIONS);
     }
 
     public int expansions() {
-        return counts.expansions;
+        return (int) machine.tally(Machine.EXPANSIONS);
     }
 
     public int entered() {
-        return counts.entered;
+        return (int) machine.tally(Machine.ENTERED);
     }
 
     public int left() {
-        return counts.left;
+        return (int) machine.tally(Machine.LEFT);
     }
 
     public int jumps() {
-        return counts.jumps;
+        return (int) machine.tally(Machine.JUMPS);
     }
 
     public float valueShare() throws ArithmeticException {
         needEnded();
-        return (float) counts.endedWithValue / (float) counts.ended;
+        return (float) machine.tally(Machine.ENDED_WITH_VALUE) / (float) machine.tally(Machine.ENDED);
     }
 
     public double meanApplications() throws ArithmeticException {
         needEnded();
-        return (double) counts.applicationsOfEnded / (double) counts.ended;
+        return (double) machine.tally(Machine.APPLICATIONS_OF_ENDED) / (double) machine.tally(Machine.ENDED);
     }
 
     public boolean isSound() {
-        return store.areDataSound() && counts.entered - counts.left == counts.abandoned + machine.countOfWinds();
+        long around = machine.tally(Machine.ENTERED) - machine.tally(Machine.LEFT);
+        return store.areDataSound() && around == machine.tally(Machine.ABANDONED) + machine.countOfWinds();
     }
 
     // ---- what the calls need
@@ -463,18 +471,18 @@ public final class WindwardScheme {
 
     private void needValue() {
         needBegun();
-        if (machine.status != 'v') {
+        if (machine.letter() != 'v') {
             throw new NoSuchElementException("the run did not end with a value");
         }
     }
 
     private void needEnded() {
-        if (counts.ended == 0) {
+        if (machine.tally(Machine.ENDED) == 0) {
             throw new ArithmeticException("no run has ended");
         }
     }
 
-    /** A row of numbers; outside of it there are zeros. It grows up to its most when a number is put behind its end. */
+    /** A row of numbers, two in each word; outside of it there are zeros. Up to its most it grows when one is put behind it. */
     private static final class Row {
         private final int most;
         private long[] words;
@@ -482,27 +490,31 @@ public final class WindwardScheme {
 
         Row(int length, int most) {
             this.most = most;
-            words = new long[length < 0 ? 0 : length];
-            used = words.length;
+            words = new long[length <= 0 ? 0 : length + 1 >> 1];
+            used = length;
         }
 
         int get(int index) {
-            return index >= 0 && index < words.length ? (int) words[index] : 0;
+            int place = index >> 1;
+            return index >= 0 && place < words.length ? (int) (words[place] >>> ((index & 1) << 5)) : 0;
         }
 
-        void put(int index, int word) {
-            if (index >= words.length && index < most) {
-                long[] more = new long[Math.min(most, Math.max(index + 1, 4 * words.length))];
+        void put(int index, int number) {
+            int place = index >> 1;
+            if (place >= words.length && index < most) {
+                long[] more = new long[Math.min(most + 1 >> 1, Math.max(place + 1, 4 * words.length))];
                 System.arraycopy(words, 0, more, 0, words.length);
                 words = more;
             }
-            if (index >= 0 && index < words.length) {
-                words[index] = word;
+            if (index >= 0 && place < words.length) {
+                boolean isLow = (index & 1) == 0;
+                long old = words[place];
+                words[place] = isLow ? old & ~LOW_WORD | number & LOW_WORD : old & LOW_WORD | (long) number << 32;
             }
         }
 
-        void add(int word) {
-            put(used, word);
+        void add(int number) {
+            put(used, number);
             used++;
         }
 
@@ -515,7 +527,7 @@ public final class WindwardScheme {
 
     /** Cells, each with a head and three fields. Those that no root reaches are found by collect() and used again. */
     private static final class Heap {
-        private static final int MAX_ROOTS = 16;
+        private static final int MAX_ROOTS = 24;
         private static final int MIN_DUE = 8192;
         private static final int MAX_STACK = 8192;
         // Few cells are known again in a small heap.
@@ -524,7 +536,7 @@ public final class WindwardScheme {
         private static final int FEW_SHARED_SHIFT = 22;
         private static final int FEW_CHUNKS = 64;
 
-        private final Row[] chunks;
+        private final long[][] chunks;
         private int chunkCount;
         private final Row[] roots; // cells
         private int rootCount;
@@ -542,9 +554,12 @@ public final class WindwardScheme {
         private int due;
         private int live;
         int collections;
+        // No episode is evaluated again that began ahead of this stamp; and none of those at hand began ahead of the other.
+        private int floor;
+        int young;
 
         Heap() {
-            chunks = new Row[MAX_CHUNKS];
+            chunks = new long[MAX_CHUNKS][];
             roots = new Row[MAX_ROOTS];
             slotRoots = new Row[MAX_ROOTS];
             weak = new Row[MAX_ROOTS];
@@ -608,7 +623,7 @@ public final class WindwardScheme {
             if (chunkCount >= chunks.length) {
                 return;
             }
-            chunks[chunkCount] = new Row(2 * CHUNK_CELLS, 0);
+            chunks[chunkCount] = new long[2 * CHUNK_CELLS];
             int first = Math.max(1, chunkCount * CHUNK_CELLS);
             chunkCount++;
             for (int cell = chunkCount * CHUNK_CELLS - 1; cell >= first; cell--) {
@@ -623,16 +638,23 @@ public final class WindwardScheme {
             int cell = free;
             int place = cell >> CHUNK_BITS;
             int index = (cell & CHUNK_CELLS - 1) << 1;
-            if (cell <= 0 || place >= chunks.length || chunks[place] == null || index + 1 >= chunks[place].words.length) {
+            if (cell <= 0 || place >= chunks.length || chunks[place] == null || index + 1 >= chunks[place].length) {
                 return 0;
             }
-            long[] words = chunks[place].words;
+            long[] words = chunks[place];
             free = (int) (words[index] >>> 32);
             words[index] = (cellKind | note << NOTE_SHIFT) & LOW_WORD | (long) one << 32;
             words[index + 1] = two & LOW_WORD | (long) three << 32;
             freeCells--;
             made++;
             return cell;
+        }
+
+        /** Lets a cell be another one from now on. */
+        void remake(int cell, int cellKind, int note, int one, int two) {
+            put(cell, HEAD, at(cell, HEAD) & (MARKED | KEPT | GRAY) | cellKind | note << NOTE_SHIFT);
+            put(cell, ITEM, one);
+            put(cell, NEXT, two);
         }
 
         /** A cell that is never changed: one like it that was made before, if that is still known. */
@@ -657,7 +679,7 @@ public final class WindwardScheme {
             if (place < 0 || place >= chunks.length || chunks[place] == null) {
                 return 0;
             }
-            long[] words = chunks[place].words;
+            long[] words = chunks[place];
             int index = ((cell & CHUNK_CELLS - 1) << 1) + (field >> 1);
             return index >= 0 && index < words.length ? (int) (words[index] >>> ((field & 1) << 5)) : 0;
         }
@@ -665,10 +687,10 @@ public final class WindwardScheme {
         void put(int cell, int field, int word) {
             int place = cell >> CHUNK_BITS;
             int index = ((cell & CHUNK_CELLS - 1) << 1) + (field >> 1);
-            if (cell <= 0 || place >= chunks.length || chunks[place] == null || index >= chunks[place].words.length) {
+            if (cell <= 0 || place >= chunks.length || chunks[place] == null || index >= chunks[place].length) {
                 return;
             }
-            long[] words = chunks[place].words;
+            long[] words = chunks[place];
             if (index >= 0) {
                 boolean isLow = (field & 1) == 0;
                 long old = words[index];
@@ -680,14 +702,14 @@ public final class WindwardScheme {
             int place = cell >> CHUNK_BITS;
             int index = (cell & CHUNK_CELLS - 1) << 1;
             boolean isThere = place >= 0 && place < chunks.length && chunks[place] != null;
-            return isThere && index < chunks[place].words.length ? (int) chunks[place].words[index] & KIND_MASK : FREE;
+            return isThere && index < chunks[place].length ? (int) chunks[place][index] & KIND_MASK : FREE;
         }
 
         int noteOf(int cell) {
             int place = cell >> CHUNK_BITS;
             int index = (cell & CHUNK_CELLS - 1) << 1;
             boolean isThere = place >= 0 && place < chunks.length && chunks[place] != null;
-            return isThere && index < chunks[place].words.length ? (int) chunks[place].words[index] >>> NOTE_SHIFT : 0;
+            return isThere && index < chunks[place].length ? (int) chunks[place][index] >>> NOTE_SHIFT : 0;
         }
 
         void setNote(int cell, int note) {
@@ -709,32 +731,19 @@ public final class WindwardScheme {
 
         /**
          * Whether the primitive 21 holds. Numbers are the same by what they are; closures and lists may be made again
-         * whenever they are looked for, so these are known by all that they are, too.
+         * whenever they are looked for, so these are known by their stamps.
          */
         boolean areSame(int one, int other) {
             if (one == other) {
                 return true;
             }
-            int place = one >> CHUNK_BITS;
-            int otherPlace = other >> CHUNK_BITS;
-            int index = (one & CHUNK_CELLS - 1) << 1;
-            int otherIndex = (other & CHUNK_CELLS - 1) << 1;
-            if (place < 0 || place >= chunks.length || otherPlace < 0 || otherPlace >= chunks.length) {
+            int cellKind = kindOf(one);
+            if (kindOf(other) != cellKind || cellKind != NUMBER && cellKind != CLOSURE && cellKind != VIEW) {
                 return false;
             }
-            if (chunks[place] == null || chunks[otherPlace] == null) {
-                return false;
-            }
-            long[] words = chunks[place].words;
-            long[] otherWords = chunks[otherPlace].words;
-            if (index + 1 >= words.length || otherIndex + 1 >= otherWords.length) {
-                return false;
-            }
-            int cellKind = (int) words[index] & KIND_MASK;
-            return (cellKind == NUMBER || cellKind == CLOSURE || cellKind == VIEW)
-                    && ((int) otherWords[otherIndex] & KIND_MASK) == cellKind
-                    && words[index] >>> 32 == otherWords[otherIndex] >>> 32
-                    && words[index + 1] == otherWords[otherIndex + 1];
+            boolean isClosure = cellKind == CLOSURE;
+            return at(one, 3) == at(other, 3)
+                    && (isClosure || at(one, 1) == at(other, 1) && at(one, 2) == at(other, 2));
         }
 
         private void collect() {
@@ -759,6 +768,7 @@ public final class WindwardScheme {
                 scanGray();
             }
             forgetUnmarked();
+            floor = young;
             sweep();
             made = 0;
             due = Math.max(MIN_DUE, live / 2);
@@ -769,16 +779,15 @@ public final class WindwardScheme {
         private void shade(int cell) {
             int place = cell >> CHUNK_BITS;
             int index = (cell & CHUNK_CELLS - 1) << 1;
-            if (cell <= 0 || place >= chunks.length || chunks[place] == null || index >= chunks[place].words.length) {
+            if (cell <= 0 || place >= chunks.length || chunks[place] == null || index >= chunks[place].length) {
                 return;
             }
-            long[] words = chunks[place].words;
-            int head = (int) words[index];
+            int head = (int) chunks[place][index];
             if ((head & (MARKED | KEPT)) != 0 || (head & KIND_MASK) == FREE) {
                 return;
             }
             boolean hasPlace = stack != null && stacked >= 0 && stacked < stack.length;
-            words[index] |= hasPlace ? MARKED : MARKED | GRAY;
+            chunks[place][index] |= hasPlace ? MARKED : MARKED | GRAY;
             if (hasPlace) {
                 stack[stacked] = cell;
                 stacked++;
@@ -794,6 +803,12 @@ public final class WindwardScheme {
                 int head = at(cell, HEAD);
                 int cellKind = head & KIND_MASK;
                 int fields = cellKind < REFERENCES.length ? REFERENCES[cellKind] : 0;
+                if (cellKind == ALL_SET && at(cell, STAMP) < floor) {
+                    // What the variables were before is not looked for any more.
+                    head &= (1 << NOTE_SHIFT) - 1;
+                    put(cell, HEAD, head);
+                    put(cell, NEXT, 0);
+                }
                 // The next one of a row is taken from the stack behind the others: so a long row needs little of it.
                 if ((fields & 8) != 0) {
                     shade(head >>> NOTE_SHIFT);
@@ -824,7 +839,7 @@ public final class WindwardScheme {
         private void forgetUnmarked() {
             for (int i = 0; i < weakCount && i < weak.length; i++) {
                 Row row = weak[i];
-                for (int j = 0; row != null && j < row.words.length; j++) {
+                for (int j = 0; row != null && j < 2 * row.words.length; j++) {
                     if (row.get(j) != 0 && (at(row.get(j), HEAD) & (MARKED | KEPT)) == 0) {
                         row.put(j, 0);
                     }
@@ -841,6 +856,10 @@ public final class WindwardScheme {
                 if ((head & (MARKED | KEPT)) != 0) {
                     put(cell, HEAD, head & ~MARKED);
                     live++;
+                    int cellKind = head & KIND_MASK;
+                    if (cellKind == BEGUN || cellKind == RESUMED) {
+                        floor = Math.min(floor, at(cell, STAMP));
+                    }
                 } else {
                     put(cell, HEAD, FREE);
                     put(cell, ITEM, free);
@@ -1171,10 +1190,11 @@ public final class WindwardScheme {
         private static final int UNBIND = 5;
         private static final int JOB_MASK = 7;
         private static final int MAX_JOBS = 2048;
-        private static final int MOST_MADE = 2048;
+        private static final int MOST_MADE = 64;
 
         private final Heap heap;
         private final Values values;
+        private final Body body;
         private final char[] text;
         int length;
         private final char[] draft;
@@ -1186,13 +1206,14 @@ public final class WindwardScheme {
         private int bindersAround;
         private int variables;
 
-        Writer(Heap heap, Values values) {
+        Writer(Heap heap, Values values, Body body) {
             this.heap = heap;
             this.values = values;
+            this.body = body;
             text = new char[MAX_TEXT];
             draft = new char[MAX_TEXT];
             jobs = new Row(MAX_JOBS, MAX_JOBS);
-            subjects = new Row(MAX_JOBS, MAX_JOBS);
+            subjects = heap.newRoots(MAX_JOBS, MAX_JOBS);
             binders = new Row(MAX_LEVEL, MAX_LEVEL);
         }
 
@@ -1216,16 +1237,19 @@ public final class WindwardScheme {
 
         /** Writes a datum, or the slot of a program: the length of the text; -1 if it would be too long. */
         int putAll(boolean isProgram, int subject) {
-            if (heap.freeCells < MOST_MADE) {
-                heap.makeRoom(MOST_MADE, 0);
-            }
             drafted = 0;
             waiting = 0;
             bindersAround = 0;
             variables = 0;
             later(isProgram ? FORM : DATUM, subject, 0);
-            for (int i = 0; i < MAX_CELLS && waiting > 0 && drafted <= MAX_TEXT; i++) {
+            boolean isRight = true;
+            for (int i = 0; i < MAX_CELLS && isRight && waiting > 0 && drafted <= MAX_TEXT; i++) {
+                subjects.used = waiting;
+                if (heap.freeCells < MOST_MADE) {
+                    heap.makeRoom(MOST_MADE, 0);
+                }
                 waiting--;
+                int job = waiting;
                 int next = subjects.get(waiting);
                 int index = jobs.get(waiting) / (JOB_MASK + 1);
                 switch (jobs.get(waiting) & JOB_MASK) {
@@ -1247,8 +1271,14 @@ public final class WindwardScheme {
                     default:
                         bindersAround--;
                 }
+                if (values.wanted != 0) {
+                    // The part is put when it is there.
+                    waiting = job + 1;
+                    isRight = body.recall(0);
+                }
             }
-            if (drafted > MAX_TEXT) {
+            subjects.used = 0;
+            if (drafted > MAX_TEXT || !isRight) {
                 return -1;
             }
             System.arraycopy(draft, 0, text, 0, drafted);
@@ -1316,9 +1346,7 @@ public final class WindwardScheme {
                     break;
                 case PAIR:
                 case VIEW:
-                    put('(');
-                    later(TAIL, values.restOf(cell), 0);
-                    later(DATUM, values.firstOf(cell), 0);
+                    putPart('(', cell);
                     break;
                 case CLOSURE:
                     putWord("#c");
@@ -1335,14 +1363,22 @@ public final class WindwardScheme {
             }
         }
 
+        /** Puts the first part of a pair behind a sign; if an episode is wanted for it, nothing is done. */
+        private void putPart(char sign, int pair) {
+            int part = values.firstOf(pair);
+            if (part != 0) {
+                put(sign);
+                later(TAIL, values.restOf(pair), 0);
+                later(DATUM, part, 0);
+            }
+        }
+
         private void putTail(int cell) {
             int cellKind = heap.kindOf(cell);
             if (cellKind == EMPTY) {
                 put(')');
             } else if (cellKind == PAIR || cellKind == VIEW) {
-                put(' ');
-                later(TAIL, values.restOf(cell), 0);
-                later(DATUM, values.firstOf(cell), 0);
+                putPart(' ', cell);
             } else {
                 putWord(" . ");
                 later(CLOSE, 0, 0);
@@ -2294,105 +2330,76 @@ public final class WindwardScheme {
         }
     }
 
-    /** What has happened in all runs. */
-    private static final class Counts {
-        long applications;
-        long applicationsOfRun;
-        long applicationsOfEnded;
-        int expansions;
-        int entered;
-        int left;
-        int jumps;
-        int ended;
-        int endedWithValue;
-        int abandoned; // winds that were entered when a run ended with an error or another one was begun
-    }
-
     /**
-     * Rows of values, variables, lists, and the primitives that come to a value at once.
+     * Rows of values, the lists that are made of them, and what is known of the body at hand.
      *
-     * <p>A few values in a row are held as they are. More of them, or more than one closure, are packed, since a run can
-     * hold hundreds ahead of each application: as runs of values that are like others of the row, or like those of an
-     * earlier row from the same place, its base; just the others are held. Closures are made anew in each row: such a one
-     * is like one of the base if it has the same code, the environment of a closure that is held, a sample, and was made
-     * as long after the sample as that of the base after a sample of the base.
+     * <p>A run can hold thousands of values ahead of each of its applications, more than there is room for. So many values
+     * are not held, but the episode in which they came about: what is evaluated from where a body begins, or goes on with a
+     * value, up to the next application. An episode takes one cell. It is evaluated again when one of its values is looked
+     * for, with all variables as they were then; and what it comes to is kept for a while, in a ring.
      *
-     * <p>A VIEW is a list that looks like a row of values from a place on, like another list, or like a datum whose pairs
-     * are made anew; but it is a list of its own by its stamp. So nothing is copied.
+     * <p>A row is one value, which is its own row; ITEMS, a few values; OWN, values of an episode; JOINED, those of a row
+     * from a place on, and those of another row behind them; LISTED, the parts of a list. Each row that depends on episodes
+     * has a depth: how many of them must be evaluated again, at most, one for the other.
      */
     private static final class Values {
-        private static final int MOST_PLAIN = 8;
-        private static final int MOST_WITH_BASE = 2048;
-        private static final int MAX_CHAIN = 128;
-        private static final int MIN_CHAIN = 8;
-        private static final int MAX_TOKENS = 4096;
-        private static final int WINDOW = 16;
-        private static final int LASTS = 4096;
-        private static final int LASTS_SHIFT = 20;
-        private static final int MOST_TRIES = 65536;
-        private static final int STAMPS = 65536;
-        private static final int KINDS = 4;
-        private static final int DRAFTS = 4;
-        private static final int SAMPLES = 3;
-        private static final int IS_SET = 1;
+        // Cells in which values of an episode are held as they are; and values that are looked at one by one.
+        private static final int MOST_PLAIN = 4;
+        private static final int MOST_GATHERED = 6;
+        private static final int NEAR = 48;
+        private static final int SKIP_MASK = 262143;
+        private static final int DEPTH_BITS = 18;
+        private static final int KEYS = 1024;
+        private static final int KEYS_SHIFT = 24;
+        private static final int WAYS = 4;
+        private static final int RING = 4096;
+        private static final int MAX_RING = 262144;
+        private static final int HEADER = 2;
+        private static final int LARGE_PART = 16;
+        private static final int MAX_PLACE = 1 << 30;
         private static final int NO_LENGTH = -1;
         private static final int UNKNOWN_LENGTH = -2;
-        private static final int MOST_MISSES = 2;
-        // What a run is: values of its own, those of the row some places back, those of the base some places on, with
-        // closures made anew or as they are; a closure of its own that is a sample, closures made one behind the other,
-        // of which the lambdas are its own. The offset of these tells how long after which sample the first one was made.
-        // The samples come ahead of all else of its own.
-        private static final int LITERAL = 0;
-        private static final int SELF = 1;
-        private static final int COPY = 2;
-        private static final int RAW = 3;
-        private static final int SAMPLE = 4;
-        private static final int MADE = 5;
-        private static final int MOST_SAMPLES = 7;
-        private static final int MODE_MASK = 7;
-        private static final int MODE_SHIFT = 3;
+        static final int NOT_KNOWN = -1;
+        static final int NONE = -1;
 
         private final Heap heap;
-        private int stamps;
-        int largest; // of the rows that were packed, as far as they can be bases
-        // The row that is packed, and what its base comes to.
-        private Row from;
-        private int start;
-        private int count;
-        private Row known;
-        private final Row knownSamples;
-        private final Row[] knowns; // what some packed rows come to: the last ones of each kind of place, and one looked for
-        private final Row knownOf; // and behind the last one as of which collection
-        private final Row tokens; // mode, length and offset of each run
-        private final Row literals; // what the row holds of its own, behind the places of samples
-        private final Row samples;
-        private final Row lasts; // the packed rows that can be bases, by their place: the last one and the one before
-        private final Row lastKeys;
-        private final Row chain; // a row, its base, the base of that, ..
-        private final Row[] drafts; // what two of them come to: values, environments and stamps of closures, and samples
-        private final Row variables;
-        private int missed; // the row in which a variable was looked for last, and how often
-        private int misses;
+        int stamps;
+        int wanted; // an episode that must be evaluated again, before a value that was looked for is there; or 0
+        // The ring: for a cell the numbers of its values and of places for settings, as negative ones, the values, the settings.
+        private final Row ring;
+        private int ringSize;
+        private int ringEnd;
+        private final Row keys;
+        private final Row spots;
+        private final Row gathered;
+        // The body at hand: the row that is below its values, and for each episode of it at what height its values begin,
+        // where it began, the value it went on with, its stamp, its cell if there is one; and the slot of the body.
+        private final Row base;
+        private final Row begins;
+        private final Row paths;
+        private final Row gifts;
+        private final Row times;
+        private final Row episodes;
+        private final Row begun;
+        final Row stack;
 
         Values(Heap heap) {
             this.heap = heap;
-            knowns = new Row[KINDS + 1];
-            for (int i = 0; i < knowns.length; i++) {
-                knowns[i] = new Row(16, MOST_WITH_BASE);
-            }
-            knownOf = new Row(KINDS + 2, KINDS + 2);
-            tokens = new Row(16, 4 * MAX_TOKENS);
-            literals = new Row(16, MAX_ROW);
-            lasts = heap.newWeakRow(2 * LASTS);
-            lastKeys = new Row(16, LASTS);
-            chain = new Row(16, 4 * MAX_CHAIN);
-            samples = new Row(MOST_SAMPLES, MOST_SAMPLES);
-            knownSamples = new Row(MOST_SAMPLES, MOST_SAMPLES);
-            drafts = new Row[2 * DRAFTS];
-            for (int i = 0; i < drafts.length; i++) {
-                drafts[i] = new Row(16, MOST_WITH_BASE);
-            }
-            variables = new Row(16, MAX_SIZE);
+            ring = heap.newRoots(16, MAX_RING);
+            ringSize = RING;
+            keys = heap.newWeakRow(KEYS);
+            spots = new Row(16, KEYS);
+            gathered = heap.newRoots(MOST_GATHERED, MOST_GATHERED);
+            base = heap.newRoots(1, 1);
+            begins = new Row(16, MAX_ROW);
+            paths = heap.newRoots(16, MAX_ROW);
+            gifts = heap.newRoots(16, MAX_ROW);
+            times = new Row(16, MAX_ROW);
+            episodes = heap.newRoots(16, MAX_ROW);
+            begun = heap.newSlotRoots(1, 1);
+            stack = heap.newRoots(16, MOST_STACKED);
+            stack.used = 0;
+            forgetBody();
         }
 
         int nextStamp() {
@@ -2400,83 +2407,213 @@ public final class WindwardScheme {
             return stamps;
         }
 
-        // ---- rows of values
+        // ---- what episodes came to
 
-        /** A row of some values of another one; 0 if there are none. The key tells where it comes from, and its kind. */
-        int pack(Row row, int first, int length, int key) {
-            // Closures are the only values that come together without an application for each.
-            if (lookAt(row, first, length) < 2 && length <= MOST_PLAIN) {
-                return plain(row, first, length);
-            }
-            largest = Math.max(largest, Math.min(length, MOST_WITH_BASE));
-            int kind = key & KINDS - 1;
-            int place = key * 0x9E3779B1 >>> LASTS_SHIFT;
-            boolean hasLast = length <= MOST_WITH_BASE && lastKeys.get(place) == key;
-            int base = hasLast ? lasts.get(2 * place) : 0;
-            int other = hasLast ? lasts.get(2 * place + 1) : 0;
-            int bases = countBases(base);
-            if (bases >= MIN_CHAIN && (bases & bases - 1) == 0) {
-                // A row without a base ends the chain, if it does not hold too much.
-                learn(0, kind);
-                findRuns();
-                base = countOfOwn() <= bases || bases >= MAX_CHAIN ? 0 : base;
-            }
-            learn(base, kind);
-            findRuns();
-            int most = countOfOwn();
-            if (base != 0 && other != 0 && most > length / 4 && countBases(other) < MAX_CHAIN) {
-                // Rows may be like every other one from the same place.
-                learn(other, kind);
-                findRuns();
-                if (countOfOwn() < most) {
-                    base = other;
-                } else {
-                    learn(base, kind);
-                    findRuns();
+        /** Where the numbers of a cell are in the ring; -1 if they are not there, or not any more. */
+        private int spotOf(int key) {
+            int first = (key * 0x9E3779B1 >>> KEYS_SHIFT) * WAYS;
+            for (int i = first; i < first + WAYS; i++) {
+                if (keys.get(i) == key && key != 0) {
+                    return ringEnd - spots.get(i) <= ringSize ? spots.get(i) : -1;
                 }
             }
-            int packed = made(base);
-            if (length <= MOST_WITH_BASE) {
-                lasts.put(2 * place + 1, hasLast ? lasts.get(2 * place) : 0);
-                lasts.put(2 * place, packed);
-                lastKeys.put(place, key);
-                knownOf.put(kind, packed);
-                known.used = 0;
-                for (int i = first; i < first + length; i++) {
-                    known.add(row.get(i));
+            return -1;
+        }
+
+        private int ringAt(int spot) {
+            return ring.get(spot & ringSize - 1);
+        }
+
+        private void putIntoRing(int spot, int number) {
+            ring.put(spot & ringSize - 1, number);
+        }
+
+        /** A place for a key: its own one, or one that is free, or that of the oldest one. */
+        private int wayOf(int key) {
+            int first = (key * 0x9E3779B1 >>> KEYS_SHIFT) * WAYS;
+            int place = first;
+            for (int i = first; i < first + WAYS; i++) {
+                if (keys.get(i) == key) {
+                    return i;
+                }
+                boolean isOlder = keys.get(i) == 0 || spots.get(i) < spots.get(place);
+                place = keys.get(place) != 0 && isOlder ? i : place;
+            }
+            return place;
+        }
+
+        /** Makes a place in the ring for so many numbers of a cell; -1 if they are too many. */
+        private int reserve(int key, int size) {
+            if (ringSize < MAX_RING && ringSize < LARGE_PART * size || ringEnd > MAX_PLACE) {
+                for (int i = 0; i < MAX_LEVEL && ringSize < MAX_RING && ringSize < LARGE_PART * size; i++) {
+                    ringSize *= 4;
+                }
+                ringEnd = 0;
+                keys.fillWithZeros();
+            }
+            if (size > ringSize) {
+                return -1;
+            }
+            int place = wayOf(key);
+            int spot = ringEnd;
+            keys.put(place, key);
+            spots.put(place, spot);
+            ringEnd += size;
+            ring.used = ringSize;
+            return spot;
+        }
+
+        /**
+         * Keeps what a cell comes to: so many values of a row, and places for settings, a power of 2, 0, or NOT_KNOWN. Where
+         * these are; -1 if it is too much.
+         */
+        int remember(int key, Row row, int first, int count, int settings) {
+            int spot = reserve(key, HEADER + count + 3 * Math.max(0, settings));
+            if (spot < 0) {
+                return -1;
+            }
+            putIntoRing(spot, ~count);
+            putIntoRing(spot + 1, ~settings);
+            int behind = spot + HEADER + count;
+            for (int i = 0; i < count; i++) {
+                putIntoRing(spot + HEADER + i, row.get(first + i));
+            }
+            for (int i = 0; i < 3 * settings; i++) {
+                putIntoRing(behind + i, 0);
+            }
+            return behind;
+        }
+
+        private static int hashOf(int environment, int place) {
+            return (environment * 31 + place) * 0x9E3779B1 >>> 8;
+        }
+
+        /** Keeps what an episode set a variable to, among so many places for settings. */
+        void rememberSetting(int spot, int settings, int environment, int place, int value) {
+            int at = hashOf(environment, place);
+            for (int i = 0; i < settings; i++) {
+                int setting = spot + 3 * (at + i & settings - 1);
+                if (ringAt(setting + 1) == 0) {
+                    putIntoRing(setting, environment);
+                    putIntoRing(setting + 1, ~place);
+                    putIntoRing(setting + 2, value);
+                    return;
                 }
             }
-            return packed;
         }
 
-        /** Looks at the values that are to be packed; how many closures there are. */
-        private int lookAt(Row row, int first, int length) {
-            from = row;
-            start = first;
-            count = length;
-            int closures = 0;
-            for (int i = first; i < first + length; i++) {
-                closures += heap.kindOf(row.get(i)) == CLOSURE ? 1 : 0;
+        /** What an episode set a variable to at last; NONE if it did not; 0, too, if the episode is wanted first. */
+        int settingOf(int episode, int environment, int place) {
+            int spot = spotOf(episode);
+            int settings = spot < 0 ? NOT_KNOWN : ~ringAt(spot + 1);
+            if (settings == NOT_KNOWN) {
+                wanted = episode;
+                return 0;
             }
-            return closures;
+            int first = spot + HEADER + ~ringAt(spot);
+            int at = hashOf(environment, place);
+            for (int i = 0; i < settings; i++) {
+                int setting = first + 3 * (at + i & settings - 1);
+                int found = ringAt(setting + 1);
+                if (found == 0) {
+                    return NONE;
+                }
+                if (found == ~place && ringAt(setting) == environment) {
+                    return ringAt(setting + 2);
+                }
+            }
+            return NONE;
         }
 
-        /** Makes the row of the runs that have been found. */
-        private int made(int base) {
-            int runs = 0;
-            for (int i = tokens.used - 3; i >= 0; i -= 3) {
-                runs = heap.makeShared(RUN, tokens.get(i + 1) << MODE_SHIFT | tokens.get(i), tokens.get(i + 2), runs, 0);
-            }
-            int first = MOST_SAMPLES - samples.used;
-            for (int i = 0; i < samples.used; i++) {
-                literals.put(first + i, samples.get(i));
-            }
-            int own = plain(literals, first, literals.used - first);
-            return heap.make(PACKED, count << MODE_SHIFT | samples.used, base, runs, own);
+        // ---- rows
+
+        boolean isRow(int cell) {
+            int cellKind = heap.kindOf(cell);
+            return cellKind >= ITEMS && cellKind <= LISTED;
         }
 
-        /** A row that is held plainly: one value is its own row. */
-        private int plain(Row row, int first, int length) {
+        /** A value of a row; 0 if an episode, or the row as a whole, is wanted for it first. */
+        int look(int row, int index) {
+            int node = row;
+            int at = index;
+            int key = 0;
+            for (int i = 0; i < MAX_CELLS && key == 0; i++) {
+                switch (heap.kindOf(node)) {
+                    case ITEMS:
+                        if (at < NEAR) {
+                            return item(node, at);
+                        }
+                        key = node;
+                        break;
+                    case OWN:
+                        key = heap.at(node, ITEM);
+                        at += heap.at(node, NEXT);
+                        break;
+                    case JOINED:
+                        int count = heap.noteOf(node);
+                        boolean isAhead = at < count;
+                        at = isAhead ? at + (heap.at(node, EXTRA) & SKIP_MASK) : at - count;
+                        node = heap.at(node, isAhead ? ITEM : NEXT);
+                        break;
+                    case LISTED:
+                        int first = at < NEAR ? -1 : spotOf(node);
+                        int ahead = first < 0 ? 0 : ~ringAt(first) - 1;
+                        if (at >= NEAR && first < 0 || at < ahead) {
+                            key = node;
+                            break;
+                        }
+                        int tail = tailOf(first < 0 ? heap.at(node, ITEM) : ringAt(first + HEADER + ahead), at - ahead);
+                        boolean isView = heap.kindOf(tail) == VIEW;
+                        node = isView ? heap.at(tail, ITEM) : tail;
+                        at = isView ? heap.at(tail, NEXT) : 0;
+                        if (!isRow(node)) {
+                            return partOf(node, at);
+                        }
+                        break;
+                    default:
+                        return at == 0 ? node : 0;
+                }
+            }
+            int spot = spotOf(key);
+            boolean isThere = spot >= 0 && at < ~ringAt(spot);
+            wanted = isThere ? wanted : key;
+            return isThere ? ringAt(spot + HEADER + at) : 0;
+        }
+
+        private int item(int items, int index) {
+            int cell = items;
+            for (int i = 0; i < index / 3; i++) {
+                cell = heap.noteOf(cell);
+            }
+            return heap.at(cell, index % 3 + 1);
+        }
+
+        /** Puts the values of a row into the ring, or the parts of a list as far as its pairs go, and what is left of it. */
+        boolean unpack(int row) {
+            int count = 0;
+            boolean isList = heap.kindOf(row) == LISTED;
+            int cell = isList ? heap.at(row, ITEM) : row;
+            for (int i = 0; i < MAX_ROW && heap.kindOf(cell) == (isList ? PAIR : ITEMS); i++) {
+                count += isList ? 1 : 3;
+                cell = isList ? heap.at(cell, REST) : heap.noteOf(cell);
+            }
+            int spot = reserve(row, HEADER + count + 1);
+            if (spot < 0) {
+                return false;
+            }
+            putIntoRing(spot, ~(isList ? count + 1 : count));
+            putIntoRing(spot + 1, ~NOT_KNOWN);
+            putIntoRing(spot + HEADER + count, cell);
+            cell = isList ? heap.at(row, ITEM) : row;
+            for (int i = 0; i < count; i++) {
+                putIntoRing(spot + HEADER + i, heap.at(cell, isList ? FIRST : i % 3 + 1));
+                cell = isList ? heap.at(cell, REST) : i % 3 < 2 ? cell : heap.noteOf(cell);
+            }
+            return true;
+        }
+
+        /** A row that is held as it is: one value is its own row. */
+        int plain(Row row, int first, int length) {
             if (length == 1) {
                 return row.get(first);
             }
@@ -2489,470 +2626,183 @@ public final class WindwardScheme {
             return items;
         }
 
-        /** Lets the chain be a row, its base, and so on, up to one without a base; how many they are. */
-        private int countBases(int packed) {
-            int row = packed;
-            chain.used = 0;
-            for (int i = 0; i < 2 * MAX_CHAIN && row != 0; i++) {
-                chain.put(i, row);
-                chain.used = i + 1;
-                row = heap.at(row, ITEM);
-            }
-            return chain.used;
-        }
-
-        private int countOfOwn() {
-            return literals.used - MOST_SAMPLES + samples.used;
-        }
-
-        /** Looks at the values of a base. */
-        private void learn(int base, int kind) {
-            known = knowns[kind];
-            knownSamples.used = heap.noteOf(base) & MOST_SAMPLES;
-            for (int i = 0; i < knownSamples.used; i++) {
-                knownSamples.put(i, plainValue(heap.at(base, EXTRA), i));
-            }
-            if (base == 0 || base != knownOf.get(kind) || knownOf.get(KINDS + 1) != heap.collections) {
-                forget();
-                knownOf.put(kind, base);
-                known.used = base == 0 ? 0 : countOf(base);
-                unpack(base, known.used, known);
+        int depthOf(int row) {
+            switch (heap.kindOf(row)) {
+                case OWN:
+                    return heap.at(row, EXTRA);
+                case JOINED:
+                    return heap.at(row, EXTRA) >>> DEPTH_BITS;
+                case LISTED:
+                    return heap.at(row, NEXT);
+                default:
+                    return 0;
             }
         }
 
-        /** Forgets what rows come to, if a collection came in between. */
-        private void forget() {
-            if (knownOf.get(KINDS + 1) != heap.collections) {
-                knownOf.fillWithZeros();
-                knownOf.put(KINDS + 1, heap.collections);
+        /** Lets a row that depends on episodes be these values from now on. */
+        void makePlain(int row, int items, int count) {
+            heap.remake(row, JOINED, count, items, 0);
+            heap.put(row, EXTRA, 0);
+        }
+
+        /** So many values of a row, and those of another one behind them. */
+        int joined(int row, int count, int behind) {
+            if (count == 0) {
+                return behind;
             }
+            int depth = Math.max(depthOf(row), depthOf(behind));
+            return heap.make(JOINED, count, row, behind, depth << DEPTH_BITS);
         }
 
-        private void addToken(int mode, int length, int offset) {
-            int at = tokens.used;
-            tokens.put(at, mode);
-            tokens.put(at + 1, length);
-            tokens.put(at + 2, offset);
-            tokens.used = at + 3;
+        /** A row of the first parts of a list. */
+        int rowOfList(int list, int count) {
+            int left = list;
+            gathered.used = 0;
+            for (int i = 0; i < count && count <= MOST_GATHERED && wanted == 0; i++) {
+                gathered.add(firstOf(left));
+                left = restOf(left);
+            }
+            boolean isPlain = count <= MOST_GATHERED && wanted == 0;
+            wanted = 0;
+            return isPlain ? plain(gathered, 0, count) : heap.make(LISTED, 0, list, depthOfList(list), 0);
         }
 
-        private void findRuns() {
-            tokens.used = 0;
-            literals.used = MOST_SAMPLES;
-            samples.used = 0;
-            int shift = 0;
-            int triesLeft = MOST_TRIES;
-            int length;
-            for (int i = 0; i < count; i += Math.max(1, length)) {
-                int mode = SELF;
-                int offset = 1;
-                length = i == 0 ? 0 : ownLength(i, 1);
-                for (int back = 2; back <= WINDOW && back <= i && length == 0; back++) {
-                    length = ownLength(i, back);
-                    offset = back;
-                }
-                // What was a few places away is looked for around where the last run was.
-                int tries = length > 0 || triesLeft < 0 ? 1 : 2 * known.used + 1;
-                for (int j = 0; j < tries && known.used > 0; j++) {
-                    triesLeft--;
-                    int near = (j & 1) == 0 ? shift + j / 2 : shift - (j + 1) / 2;
-                    int copied = knownLength(i, near, Math.min(samples.used, knownSamples.used));
-                    int raw = copied > 0 || samples.used == 0 ? 0 : knownLength(i, near, 0);
-                    if (copied + raw > length) {
-                        mode = copied > 0 ? COPY : RAW;
-                        length = copied + raw;
-                        offset = near;
+        // ---- the body at hand
+
+        void forgetBody() {
+            begins.used = 0;
+            paths.used = 0;
+            gifts.used = 0;
+            times.used = 0;
+            episodes.used = 0;
+            base.used = 0;
+            begun.used = 0;
+        }
+
+        void beginBody(int slot) {
+            begun.put(0, slot);
+            begun.used = 1;
+            beginEpisode(0, 0, 0);
+        }
+
+        void resumeBody(int row, int height, int path, int value) {
+            base.put(0, row);
+            base.used = 1;
+            beginEpisode(height, path, value);
+        }
+
+        /** Begins with an episode at this height, where what was above is no more. */
+        void beginEpisode(int height, int path, int value) {
+            int last = begins.used;
+            for (int i = 0; i < MAX_ROW && last > 0 && begins.get(last - 1) >= height; i++) {
+                last--;
+            }
+            begins.put(last, height);
+            paths.put(last, path);
+            gifts.put(last, value);
+            times.put(last, nextStamp());
+            episodes.put(last, 0);
+            begins.used = last + 1;
+            paths.used = last + 1;
+            gifts.used = last + 1;
+            episodes.used = last + 1;
+        }
+
+        /** The stamp of the episode at hand. */
+        int lastStamp() {
+            return times.get(begins.used - 1);
+        }
+
+        int countOfEpisodes() {
+            return begins.used;
+        }
+
+        /** No episode of the body at hand began ahead of this stamp. */
+        int oldestStamp() {
+            return begins.used > 0 ? times.get(0) : stamps;
+        }
+
+        int base() {
+            return base.get(0);
+        }
+
+        int beginOfLast() {
+            return begins.get(begins.used - 1);
+        }
+
+        int lastEpisode(int environment) {
+            return episodeAt(begins.used - 1, environment);
+        }
+
+        private int episodeAt(int index, int environment) {
+            int episode = episodes.get(index);
+            if (episode == 0) {
+                int path = paths.get(index);
+                int stamp = times.get(index);
+                episode = path == 0
+                        ? heap.make(BEGUN, 0, begun.get(0), environment, stamp)
+                        : heap.make(RESUMED, path, gifts.get(index), environment, stamp);
+                episodes.put(index, episode);
+            }
+            return episode;
+        }
+
+        /**
+         * A row of the values that wait between two heights, where the stack has those from below on. If it depends on
+         * episodes, the depth is that of those of the body at hand.
+         */
+        int rowOf(int below, int from, int to, int environment, int depth) {
+            int gatheredRow = to - from <= MOST_GATHERED ? gather(below, from, to) : 0;
+            if (gatheredRow != 0 || from >= to) {
+                return gatheredRow;
+            }
+            int row = 0;
+            int own = from; // the first value that is not in the row yet
+            if (from < below) {
+                own = Math.min(below, to);
+                int place = depthOf(base.get(0)) << DEPTH_BITS | from;
+                row = from == 0 ? base.get(0) : heap.make(JOINED, own - from, base.get(0), 0, place);
+            }
+            int at = own;
+            for (int i = 0; i < begins.used && at < to; i++) {
+                int end = i + 1 < begins.used ? Math.min(to, begins.get(i + 1)) : to;
+                if (end > at && isLarge(stack, at - below, end - at, times.get(i))) {
+                    row = at > own ? joined(row, own - from, plain(stack, own - below, at - own)) : row;
+                    int episode = episodeAt(i, environment);
+                    row = joined(row, at - from, heap.make(OWN, 0, episode, at - begins.get(i), depth));
+                    int known = spotOf(episode);
+                    if (known < 0 || ~ringAt(known) < end - begins.get(i)) {
+                        remember(episode, stack, begins.get(i) - below, end - begins.get(i), NOT_KNOWN);
                     }
-                    if (copied + raw > 0) {
-                        shift = near;
-                        break;
-                    }
+                    own = end;
                 }
-                if (length > 0 && tokens.used < 3 * MAX_TOKENS) {
-                    addToken(mode, length, offset);
-                } else {
-                    length = 1;
-                    addOwn(from.get(start + i));
+                at = Math.max(at, end);
+            }
+            return own < to ? joined(row, own - from, plain(stack, own - below, to - own)) : row;
+        }
+
+        /** A row that is held as it is, of a few values; 0 if they take too many cells, or an episode is wanted for one. */
+        private int gather(int below, int from, int to) {
+            gathered.used = 0;
+            for (int i = from; i < to; i++) {
+                int value = i < below ? look(base.get(0), i) : stack.get(i - below);
+                if (value == 0) {
+                    wanted = 0;
+                    return 0;
                 }
+                gathered.add(value);
             }
+            return isLarge(gathered, 0, to - from, oldestStamp()) ? 0 : plain(gathered, 0, to - from);
         }
 
-        private void addOwn(int value) {
-            boolean isClosure = heap.kindOf(value) == CLOSURE && tokens.used < 3 * MAX_TOKENS;
-            int sample = isClosure ? likeSample(samples, samples.used, value) : -1;
-            if (isClosure && sample < 0 && samples.used < MOST_SAMPLES) {
-                samples.put(samples.used, value);
-                samples.used++;
-                addToken(SAMPLE, 1, 0);
-                return;
+        /** Whether values take many cells, with those of closures that were made behind this stamp. */
+        private boolean isLarge(Row row, int first, int count, int stamp) {
+            int cells = count == 1 ? 0 : (count + 2) / 3;
+            for (int i = first; i < first + count && cells <= MOST_PLAIN; i++) {
+                int value = row.get(i);
+                cells += heap.kindOf(value) == CLOSURE && heap.at(value, STAMP) > stamp ? 1 : 0;
             }
-            boolean isMade = sample >= 0;
-            int later = heap.at(value, STAMP) - heap.at(samples.get(sample), STAMP);
-            int mode = isMade ? MADE : LITERAL;
-            int offset = isMade ? later << MODE_SHIFT | sample : 0;
-            int last = tokens.used - 3;
-            int length = tokens.get(last + 1);
-            boolean goesOn = last >= 0 && tokens.get(last) == mode;
-            if (goesOn && (!isMade || tokens.get(last + 2) + (length << MODE_SHIFT) == offset)) {
-                tokens.put(last + 1, length + 1);
-            } else {
-                addToken(mode, 1, offset);
-            }
-            literals.add(isMade ? heap.at(value, CODE) : value);
-        }
-
-        /** Which one of some samples has the environment of a closure that was made after it; -1 if there is none. */
-        private int likeSample(Row someSamples, int most, int closure) {
-            for (int i = 0; i < most; i++) {
-                int sample = someSamples.get(i);
-                int later = heap.at(closure, STAMP) - heap.at(sample, STAMP);
-                if (heap.at(closure, AROUND) == heap.at(sample, AROUND) && later >= 0 && later < STAMPS) {
-                    return i;
-                }
-            }
-            return -1;
-        }
-
-        /** How many values from a place on are like those some places back. */
-        private int ownLength(int place, int back) {
-            int length = 0;
-            for (int i = start + place; i < start + count && heap.areSame(from.get(i), from.get(i - back)); i++) {
-                length++;
-            }
-            return length;
-        }
-
-        /** How many values from a place on are like those of the base some places on, with some samples. */
-        private int knownLength(int place, int shift, int most) {
-            int length = 0;
-            for (int i = place; i < count && i + shift >= 0 && i + shift < known.used; i++) {
-                int value = from.get(start + i);
-                int old = known.get(i + shift);
-                int sample = most > 0 && heap.kindOf(old) == CLOSURE ? likeSample(knownSamples, most, old) : -1;
-                boolean isLike = heap.areSame(value, old);
-                if (sample >= 0) {
-                    int now = samples.get(sample);
-                    int later = heap.at(old, STAMP) - heap.at(knownSamples.get(sample), STAMP);
-                    isLike = heap.kindOf(value) == CLOSURE
-                            && heap.at(value, CODE) == heap.at(old, CODE)
-                            && heap.at(value, AROUND) == heap.at(now, AROUND)
-                            && heap.at(value, STAMP) == heap.at(now, STAMP) + later;
-                }
-                if (!isLike) {
-                    return length;
-                }
-                length++;
-            }
-            return length;
-        }
-
-        int countOf(int row) {
-            if (heap.kindOf(row) == PACKED) {
-                return heap.noteOf(row) >> MODE_SHIFT;
-            }
-            if (heap.kindOf(row) != ITEMS) {
-                return row == 0 ? 0 : 1;
-            }
-            int items = row;
-            int before = 0;
-            for (int i = 0; i < MAX_ROW && heap.noteOf(items) != 0; i++) {
-                items = heap.noteOf(items);
-                before += 3;
-            }
-            return before + (heap.at(items, 3) != 0 ? 3 : heap.at(items, 2) != 0 ? 2 : heap.at(items, 1) != 0 ? 1 : 0);
-        }
-
-        /** A value of a row that is held plainly. */
-        private int plainValue(int row, int index) {
-            if (heap.kindOf(row) != ITEMS) {
-                return index == 0 ? row : 0;
-            }
-            int items = row;
-            for (int i = 0; i < index / 3; i++) {
-                items = heap.noteOf(items);
-            }
-            return heap.at(items, index % 3 + 1);
-        }
-
-        /** What a packed row comes to, if that is known; otherwise null. */
-        private Row knownValues(int row) {
-            for (int i = 0; i < knowns.length && knownOf.get(KINDS + 1) == heap.collections; i++) {
-                if (knownOf.get(i) == row) {
-                    return knowns[i];
-                }
-            }
-            return null;
-        }
-
-        /** A value of a packed row, which is found through its bases. */
-        private int packedValue(int row, int index) {
-            int at = row;
-            int place = index;
-            int sample = 0;
-            int later = 0;
-            chain.used = 0;
-            for (int step = 0; step < MAX_ROW && heap.kindOf(at) == PACKED; step++) {
-                int run = heap.at(at, NEXT);
-                int own = heap.noteOf(at) & MOST_SAMPLES;
-                int samplesAhead = 0;
-                int begin = 0;
-                for (int i = 0; i < MAX_ROW && run != 0 && place >= begin + (heap.noteOf(run) >> MODE_SHIFT); i++) {
-                    int length = heap.noteOf(run) >> MODE_SHIFT;
-                    int mode = heap.noteOf(run) & MODE_MASK;
-                    begin += length;
-                    own += mode % MADE == LITERAL ? length : 0;
-                    samplesAhead += mode == SAMPLE ? 1 : 0;
-                    run = heap.at(run, NEXT);
-                }
-                int offset = heap.at(run, ITEM);
-                switch (heap.noteOf(run) & MODE_MASK) {
-                    case SAMPLE:
-                        at = heap.at(at, EXTRA);
-                        place = samplesAhead;
-                        break;
-                    case MADE:
-                        sample = plainValue(heap.at(at, EXTRA), offset & MODE_MASK);
-                        later = (offset >> MODE_SHIFT) + place - begin;
-                        at = heap.at(at, EXTRA);
-                        place += own - begin;
-                        break;
-                    case LITERAL:
-                        at = heap.at(at, EXTRA);
-                        place += own - begin;
-                        break;
-                    case SELF:
-                        place = offset > 0 ? begin - offset + (place - begin) % offset : 0;
-                        break;
-                    default:
-                        chain.add(at);
-                        chain.add((heap.noteOf(run) & MODE_MASK) == COPY ? samplesAhead : 0);
-                        at = heap.at(at, ITEM);
-                        place += offset;
-                }
-            }
-            int value = plainValue(at, place);
-            if (heap.kindOf(value) == LAMBDA) {
-                return renewed(value, heap.at(sample, AROUND), heap.at(sample, STAMP) + later);
-            }
-            boolean isClosure = heap.kindOf(value) == CLOSURE && chain.used > 0;
-            return isClosure ? renewed(heap.at(value, CODE), heap.at(value, AROUND), heap.at(value, STAMP)) : value;
-        }
-
-        /** A closure as it is in the first row of the chain, from how it is in the base of the last one. */
-        private int renewed(int lambda, int aroundThen, int stampThen) {
-            int around = aroundThen;
-            int stamp = stampThen;
-            for (int i = chain.used - 2; i >= 0; i -= 2) {
-                int own = heap.at(chain.get(i), EXTRA);
-                int base = heap.at(chain.get(i), ITEM);
-                int most = Math.min(chain.get(i + 1), heap.noteOf(base) & MOST_SAMPLES);
-                for (int j = 0; j < most; j++) {
-                    int old = plainValue(heap.at(base, EXTRA), j);
-                    int later = stamp - heap.at(old, STAMP);
-                    if (around == heap.at(old, AROUND) && later >= 0 && later < STAMPS) {
-                        around = heap.at(plainValue(own, j), AROUND);
-                        stamp = heap.at(plainValue(own, j), STAMP) + later;
-                        break;
-                    }
-                }
-            }
-            return heap.make(CLOSURE, 0, lambda, around, stamp);
-        }
-
-        /** Lets the values of a row be those of another one from its begin on. */
-        void unpack(int row, int length, Row into) {
-            if (heap.kindOf(row) != PACKED) {
-                unpackPlain(row, length, into);
-                return;
-            }
-            int bases = countBases(row);
-            for (int i = bases - 1; i >= 0; i--) {
-                int drafted = i % 2 * DRAFTS;
-                Row values = bases == 1 ? into : drafts[drafted];
-                int items = heap.at(chain.get(i), EXTRA);
-                int own = unpackSamples(chain.get(i), drafts[drafted + SAMPLES]);
-                items = own < 3 ? items : own < 6 ? heap.noteOf(items) : heap.noteOf(heap.noteOf(items));
-                int samplesAhead = 0;
-                int place = 0;
-                int run = heap.at(chain.get(i), NEXT);
-                for (int j = 0; j < MAX_ROW && run != 0; j++) {
-                    int runLength = heap.noteOf(run) >> MODE_SHIFT;
-                    int mode = heap.noteOf(run) & MODE_MASK;
-                    if (mode % MADE == LITERAL) {
-                        items = unpackOwn(run, items, own, place, values, drafted);
-                        own += runLength;
-                    } else {
-                        unpackLike(run, place, samplesAhead, values, drafted);
-                        samplesAhead += mode == SAMPLE ? 1 : 0;
-                    }
-                    place += runLength;
-                    run = heap.at(run, NEXT);
-                }
-            }
-            if (bases > 1) {
-                makeClosures(length, into);
-            }
-        }
-
-        private void unpackPlain(int row, int length, Row into) {
-            int items = row;
-            boolean isAlone = heap.kindOf(row) != ITEMS;
-            for (int i = 0; i < length; i++) {
-                into.put(i, isAlone ? row : heap.at(items, i % 3 + 1));
-                items = i % 3 < 2 ? items : heap.noteOf(items);
-            }
-        }
-
-        /** Lets a row be the samples of a packed row; how many they are. */
-        private int unpackSamples(int packed, Row into) {
-            int items = heap.at(packed, EXTRA);
-            boolean isAlone = heap.kindOf(items) != ITEMS;
-            into.used = heap.noteOf(packed) & MOST_SAMPLES;
-            for (int i = 0; i < into.used; i++) {
-                into.put(i, isAlone ? items : heap.at(items, i % 3 + 1));
-                items = i % 3 < 2 ? items : heap.noteOf(items);
-            }
-            return into.used;
-        }
-
-        /** Drafts the values of a run that the row holds, from a place in its items on; the items behind them. */
-        private int unpackOwn(int run, int items, int own, int place, Row values, int drafted) {
-            boolean isMade = (heap.noteOf(run) & MODE_MASK) == MADE;
-            int length = heap.noteOf(run) >> MODE_SHIFT;
-            int offset = heap.at(run, ITEM);
-            int sample = drafts[drafted + SAMPLES].get(offset & MODE_MASK);
-            boolean isAlone = heap.kindOf(items) != ITEMS;
-            int cell = items;
-            for (int i = 0; i < length; i++) {
-                int value = isAlone ? cell : heap.at(cell, (own + i) % 3 + 1);
-                int around = heap.at(isMade ? sample : value, AROUND);
-                int stamp = isMade ? heap.at(sample, STAMP) + (offset >> MODE_SHIFT) + i : heap.at(value, STAMP);
-                boolean isDue = isMade && values != drafts[drafted];
-                values.put(place + i, isDue ? heap.make(CLOSURE, 0, value, around, stamp) : value);
-                drafts[drafted + 1].put(place + i, around);
-                drafts[drafted + 2].put(place + i, stamp);
-                cell = isAlone || (own + i) % 3 < 2 ? cell : heap.noteOf(cell);
-            }
-            return cell;
-        }
-
-        /** Drafts the values of a run that are like others, or a sample. */
-        private void unpackLike(int run, int place, int samplesAhead, Row values, int drafted) {
-            int mode = heap.noteOf(run) & MODE_MASK;
-            int length = heap.noteOf(run) >> MODE_SHIFT;
-            int other = mode == SELF ? drafted : DRAFTS - drafted;
-            int offset = mode == SELF ? -heap.at(run, ITEM) : heap.at(run, ITEM);
-            Row others = mode == SELF ? values : drafts[other];
-            Row now = drafts[drafted + SAMPLES];
-            Row then = drafts[other + SAMPLES];
-            int most = mode == COPY ? Math.min(samplesAhead, then.used) : 0;
-            for (int i = place; i < place + length; i++) {
-                int value = mode == SAMPLE ? now.get(samplesAhead) : others.get(i + offset);
-                int around = mode == SAMPLE ? heap.at(value, AROUND) : drafts[other + 1].get(i + offset);
-                int stamp = mode == SAMPLE ? heap.at(value, STAMP) : drafts[other + 2].get(i + offset);
-                for (int j = 0; j < most; j++) {
-                    int later = stamp - heap.at(then.get(j), STAMP);
-                    if (around == heap.at(then.get(j), AROUND) && later >= 0 && later < STAMPS) {
-                        around = heap.at(now.get(j), AROUND);
-                        stamp = heap.at(now.get(j), STAMP) + later;
-                        break;
-                    }
-                }
-                values.put(i, value);
-                drafts[drafted + 1].put(i, around);
-                drafts[drafted + 2].put(i, stamp);
-            }
-        }
-
-        /** Lets the values of a row be the drafted ones, with closures as they are there. */
-        private void makeClosures(int length, Row into) {
-            for (int i = 0; i < length; i++) {
-                int value = drafts[0].get(i);
-                int around = drafts[1].get(i);
-                int stamp = drafts[2].get(i);
-                int valueKind = heap.kindOf(value);
-                boolean isAsItWas = heap.at(value, AROUND) == around && heap.at(value, STAMP) == stamp;
-                if (valueKind == LAMBDA || valueKind == CLOSURE && !isAsItWas) {
-                    int lambda = valueKind == LAMBDA ? value : heap.at(value, CODE);
-                    value = heap.make(CLOSURE, 0, lambda, around, stamp);
-                }
-                into.put(i, value);
-            }
-        }
-
-        // ---- variables
-
-        private int outer(int environment, int slot) {
-            int around = environment;
-            for (int i = slot >>> DEPTH_OUT_SHIFT; i > 0; i--) {
-                around = heap.at(around, NEXT);
-            }
-            return around;
-        }
-
-        private static int placeOf(int slot) {
-            return slot >> SLOT_SHIFT & PLACE_MASK;
-        }
-
-        int variable(int environment, int slot) {
-            int around = outer(environment, slot);
-            int row = heap.at(around, ITEM);
-            if (heap.kindOf(around) == ONE_ENVIRONMENT) {
-                return row;
-            }
-            if (heap.kindOf(row) != PACKED) {
-                return plainValue(row, placeOf(slot));
-            }
-            Row values = knownValues(row);
-            if (values != null) {
-                return values.get(placeOf(slot));
-            }
-            // A row in which many variables are looked for is unpacked once for all of them.
-            misses = row == missed ? misses + 1 : 0;
-            missed = row;
-            if (misses > MOST_MISSES && countOf(row) <= MOST_WITH_BASE) {
-                forget();
-                knownOf.put(KINDS, row);
-                unpack(row, countOf(row), knowns[KINDS]);
-            }
-            return packedValue(row, placeOf(slot));
-        }
-
-        /** Sets a variable: then its row is held plainly. */
-        void setVariable(int environment, int slot, int value) {
-            int around = outer(environment, slot);
-            if (heap.kindOf(around) == ONE_ENVIRONMENT) {
-                heap.put(around, ITEM, value);
-                return;
-            }
-            int row = heap.at(around, ITEM);
-            if (heap.kindOf(row) == PACKED) {
-                int length = countOf(row);
-                unpack(row, length, variables);
-                row = plain(variables, 0, length);
-                heap.put(around, ITEM, row);
-            }
-            heap.setNote(around, IS_SET);
-            int place = placeOf(slot);
-            for (int i = 0; i < place / 3; i++) {
-                row = heap.noteOf(row);
-            }
-            heap.put(row, place % 3 + 1, value);
-        }
-
-        /** Packs the rows of the variables around that were set, so that environments that wait stay small. */
-        void packVariables(int environment, int reserve) {
-            int around = environment;
-            for (int i = 0; i < MAX_LEVEL && around != 0; i++) {
-                if (heap.noteOf(around) == IS_SET && heap.freeCells > STEP / 2 + 8 * largest + reserve) {
-                    int row = heap.at(around, ITEM);
-                    int length = countOf(row);
-                    unpack(row, length, variables);
-                    heap.put(around, ITEM, pack(variables, 0, length, heap.at(around, EXTRA) << 2 | 3));
-                    heap.setNote(around, 0);
-                }
-                around = heap.at(around, NEXT);
-            }
+            return cells > MOST_PLAIN;
         }
 
         // ---- lists
@@ -2962,67 +2812,77 @@ public final class WindwardScheme {
             return cellKind == PAIR || cellKind == VIEW;
         }
 
+        /** The first part of a pair; 0 if an episode is wanted for it first. */
         int firstOf(int pair) {
-            int base = heap.at(pair, ITEM);
-            if (heap.kindOf(pair) == PAIR) {
-                return base;
-            }
-            int place = heap.at(pair, NEXT);
-            switch (heap.kindOf(base)) {
-                case PAIR:
-                    return heap.at(base, FIRST);
-                case COPIED:
-                    int part = heap.at(base, FIRST);
-                    return heap.kindOf(part) == COPIED ? heap.make(VIEW, 0, part, place, place) : part;
-                case PACKED:
-                    Row values = knownValues(base);
-                    return values == null ? packedValue(base, place) : values.get(place);
-                default:
-                    return plainValue(base, place);
-            }
+            boolean isView = heap.kindOf(pair) == VIEW;
+            int base = isView ? heap.at(pair, ITEM) : pair;
+            int place = isView ? heap.at(pair, NEXT) : 0;
+            return isRow(base) ? look(base, place) : partOf(base, place);
         }
 
-        // The place in a datum whose pairs are made anew is its stamp; so a copy of such a list has two different ones.
+        /** The first part of a pair, or of one that is made anew, with this stamp. */
+        private int partOf(int base, int stamp) {
+            int part = heap.at(base, FIRST);
+            boolean isAnew = heap.kindOf(base) == COPIED && heap.kindOf(part) == COPIED;
+            return isAnew ? heap.make(VIEW, 0, part, stamp, stamp) : part;
+        }
+
         int restOf(int pair) {
-            if (heap.kindOf(pair) == PAIR) {
-                return heap.at(pair, REST);
-            }
-            int base = heap.at(pair, ITEM);
-            int place = heap.at(pair, NEXT);
-            int stamp = heap.at(pair, STAMP);
-            int rest = heap.at(base, REST);
-            switch (heap.kindOf(base)) {
-                case PAIR:
-                    return stampedAs(rest, stamp);
-                case COPIED:
-                    if (heap.kindOf(rest) == COPIED) {
-                        return heap.make(VIEW, 0, rest, place, stamp);
-                    }
-                    return place == stamp ? rest : stampedAs(rest, stamp);
-                default:
-                    return place + 1 < countOf(base) ? heap.make(VIEW, 0, base, place + 1, stamp) : EMPTY_CELL;
-            }
+            return heap.kindOf(pair) == PAIR ? heap.at(pair, REST) : tailOf(pair, 1);
         }
 
-        /** A list like this one with a stamp. */
-        private int stampedAs(int list, int stamp) {
+        /**
+         * What is left of a list behind so many parts. A copy is known by its stamp. The place in a datum whose pairs are made
+         * anew is its stamp; so a copy of such a list has two different ones.
+         */
+        int tailOf(int list, int parts) {
+            int base = list;
+            int place = 0;
+            int stamp = 0;
+            int count = 0;
+            int left = parts;
+            boolean isStamped = false;
+            for (int i = 0; i < MAX_CELLS; i++) {
+                if (heap.kindOf(base) == VIEW) {
+                    stamp = isStamped ? stamp : heap.at(base, STAMP);
+                    isStamped = true;
+                    place = heap.at(base, NEXT);
+                    count = heap.noteOf(base);
+                    base = heap.at(base, ITEM);
+                }
+                boolean isCopied = heap.kindOf(base) == COPIED;
+                if (left <= 0 || !isCopied && heap.kindOf(base) != PAIR) {
+                    break;
+                }
+                left--;
+                base = heap.at(base, REST);
+                isStamped = isStamped && (!isCopied || heap.kindOf(base) == COPIED || place != stamp);
+            }
+            int baseKind = heap.kindOf(base);
+            if (baseKind >= ITEMS && baseKind <= LISTED) {
+                return place + left < count ? heap.make(VIEW, count, base, place + left, stamp) : EMPTY_CELL;
+            }
+            boolean isCopied = baseKind == COPIED;
+            boolean isView = isStamped && (isCopied || baseKind == PAIR);
+            return isView ? heap.make(VIEW, 0, base, isCopied ? place : 0, stamp) : base;
+        }
+
+        /** A copy of a list, of which only the pairs are new. */
+        int copyOf(int list) {
+            int stamp = nextStamp();
             switch (heap.kindOf(list)) {
                 case PAIR:
                     return heap.make(VIEW, 0, list, 0, stamp);
                 case VIEW:
-                    return heap.make(VIEW, 0, heap.at(list, ITEM), heap.at(list, NEXT), stamp);
+                    return heap.make(VIEW, heap.noteOf(list), heap.at(list, ITEM), heap.at(list, NEXT), stamp);
                 default:
                     return list;
             }
         }
 
-        int copyOf(int list) {
-            return stampedAs(list, nextStamp());
-        }
-
         /** A new list of the values of a row. */
-        int listOf(int row) {
-            return heap.make(VIEW, 0, row, 0, nextStamp());
+        int listOf(int row, int count) {
+            return heap.make(VIEW, count, row, 0, nextStamp());
         }
 
         /** A datum whose pairs are made anew, once for this call. */
@@ -3034,7 +2894,14 @@ public final class WindwardScheme {
         /** A new pair, which bears the length of its list, if that is known, so that it is not counted again and again. */
         int pairOf(int first, int rest) {
             int length = quickLength(rest);
-            return heap.make(PAIR, 0, first, rest, length >= 0 ? NO_LENGTH - 2 - length : length == NO_LENGTH ? length : 0);
+            int measure = length >= 0 ? NO_LENGTH - 2 - length : length == NO_LENGTH ? length : 0;
+            return heap.make(PAIR, depthOfList(rest), first, rest, measure);
+        }
+
+        private int depthOfList(int list) {
+            int base = heap.kindOf(list) == VIEW ? heap.at(list, ITEM) : list;
+            boolean isMade = heap.kindOf(base) == PAIR && heap.at(base, MEASURE) <= 0;
+            return isMade ? heap.noteOf(base) : isRow(base) ? depthOf(base) : 0;
         }
 
         /** The length of a list if it is known; NO_LENGTH if it is no list, UNKNOWN_LENGTH if it must be counted. */
@@ -3044,16 +2911,13 @@ public final class WindwardScheme {
             switch (heap.kindOf(cell)) {
                 case EMPTY:
                     return 0;
-                case ITEMS:
-                case PACKED:
-                    return countOf(cell) - heap.at(list, NEXT);
                 case PAIR:
                     int noted = heap.at(cell, MEASURE);
                     return noted >= 0 ? UNKNOWN_LENGTH : noted == NO_LENGTH ? NO_LENGTH : NO_LENGTH - 1 - noted;
                 case COPIED:
                     return UNKNOWN_LENGTH;
                 default:
-                    return NO_LENGTH;
+                    return isView ? heap.noteOf(list) - heap.at(list, NEXT) : NO_LENGTH;
             }
         }
 
@@ -3127,47 +2991,494 @@ public final class WindwardScheme {
     }
 
     /**
+     * The variables: what they are set to, and what they were when an episode began that is evaluated again.
+     *
+     * <p>What an episode sets are its settings, up to its end; then they become versions of the variables, as something may
+     * look back: a SETTING of one variable; the SETTINGS of an episode, if there are more; or ALL_SET, the values of all
+     * variables. The newest version stands in place of the row in the environment, and each one knows the one before; its
+     * stamp is that of the episode that set it. The global variables are an environment, too, 0.
+     */
+    private static final class Variables {
+        static final int NOW = Integer.MAX_VALUE;
+        private static final int MOST_SETTINGS = 2;
+        private static final int MASK_BITS = 23;
+        private static final int HEADS = 1024;
+        private static final int HEADS_SHIFT = 22;
+        private static final int MEMOS = 64;
+        private static final int MEMO_SHIFT = 26;
+        // How deep rows and versions may be, and how many versions there may be until all variables are held again: more of
+        // them if there are more variables.
+        private static final int LEAST_DEPTH = 32;
+        private static final int MORE_DEPTH = 64;
+        private static final int LEAST_LENGTH = 4;
+        private static final int LEAST_EPISODES = 8;
+        private static final int MORE_EPISODES = 40;
+        private static final int MOST_GLOBAL = 24;
+        private static final int LENGTH_MASK = 4095;
+        private static final int NOTE_DEPTH_SHIFT = 12;
+        private static final int MOST_NOTE_DEPTH = 2047;
+        private static final int MOST_LOOKED = 256;
+        static final int SEARCH = 3;
+
+        private final Heap heap;
+        private final Store store;
+        private final Values values;
+        int time; // NOW, or the stamp of the episode that is evaluated again
+        // The settings of the episode at hand, from first on, and of those that wait for it; found by their variables.
+        private final Row environments;
+        private final Row places;
+        private final Row contents;
+        private final Row nexts;
+        private final Row heads;
+        int first;
+        private boolean isGlobalSet; // in the episode at hand, now
+        private final Row newest; // of the global variables
+        private int length; // how many versions there are since all global variables were held
+        private int depth;
+        private boolean isGlobalDue;
+        int filling; // an environment whose variables are to be held as they are; or 0
+        private final Row filled;
+        // Where the version of an environment was found last.
+        private final Row memos;
+        private int memoCollections;
+        // How far a variable was looked for when an episode was wanted: its environment, its place, the version.
+        final Row search;
+
+        Variables(Heap heap, Store store, Values values) {
+            this.heap = heap;
+            this.store = store;
+            this.values = values;
+            time = NOW;
+            environments = heap.newRoots(16, MAX_ROW);
+            places = new Row(16, MAX_ROW);
+            contents = heap.newRoots(16, MAX_ROW);
+            nexts = new Row(16, MAX_ROW);
+            heads = new Row(16, HEADS);
+            newest = heap.newRoots(1, 1);
+            filled = heap.newRoots(16, MAX_SIZE);
+            memos = new Row(3 * MEMOS, 3 * MEMOS);
+            search = new Row(SEARCH, SEARCH);
+            environments.used = 0;
+            contents.used = 0;
+            filled.used = 0;
+            newest.put(0, heap.make(ALL_SET, 0, globalRow(), 0, 0));
+        }
+
+        private int globalRow() {
+            filled.used = 0;
+            for (int symbol = 0; symbol < SYMBOLS; symbol++) {
+                filled.add(store.globalValue(symbol));
+            }
+            int row = values.plain(filled, 0, SYMBOLS);
+            filled.used = 0;
+            return row;
+        }
+
+        // ---- settings
+
+        private static int headOf(int environment, int place) {
+            return (environment * 31 + place) * 0x9E3779B1 >>> HEADS_SHIFT;
+        }
+
+        /** The setting of a variable in the episode at hand; -1 if there is none. */
+        private int settingOf(int environment, int place) {
+            int setting = environments.used > first ? heads.get(headOf(environment, place)) - 1 : -1;
+            for (int i = 0; i < MAX_ROW && setting >= first; i++) {
+                if (places.get(setting) == place && environments.get(setting) == environment) {
+                    return setting;
+                }
+                setting = nexts.get(setting) - 1;
+            }
+            return -1;
+        }
+
+        /** What a variable was set to in the episode at hand; Values.NONE if it was not. */
+        int justSet(int environment, int place) {
+            int setting = settingOf(environment, place);
+            return setting < 0 ? Values.NONE : contents.get(setting);
+        }
+
+        void set(int environment, int place, int value) {
+            int setting = settingOf(environment, place);
+            if (setting < 0) {
+                int head = headOf(environment, place);
+                setting = environments.used;
+                environments.put(setting, environment);
+                environments.used = setting + 1;
+                places.put(setting, place);
+                contents.used = setting + 1;
+                nexts.put(setting, heads.get(head));
+                heads.put(head, setting + 1);
+            }
+            contents.put(setting, value);
+        }
+
+        /** Lets a symbol be something else, if this is not evaluated again. */
+        void define(int symbol, int meaning, int content) {
+            if (time == NOW) {
+                store.define(symbol, meaning, content);
+                isGlobalSet = true;
+            }
+        }
+
+        void forgetSettings() {
+            for (int i = environments.used - 1; i >= first; i--) {
+                heads.put(headOf(environments.get(i), places.get(i)), nexts.get(i));
+            }
+            environments.used = first;
+            contents.used = first;
+        }
+
+        /** Forgets all that is at hand. */
+        void forgetAll() {
+            forgetSettings();
+            isGlobalSet = false;
+            filling = 0;
+            filled.used = 0;
+            search.put(2, 0);
+            values.wanted = 0;
+        }
+
+        int countOfSettings() {
+            return environments.used;
+        }
+
+        /** Keeps what the episode at hand came to, where its values begin in the stack; whether that could be. */
+        boolean remember(int episode, int begin) {
+            int count = environments.used - first;
+            int settings = count == 0 ? 0 : 2;
+            for (int i = 0; i < 31 && settings < 2 * count; i++) {
+                settings *= 2;
+            }
+            int spot = values.remember(episode, values.stack, begin, values.stack.used - begin, settings);
+            for (int i = first; i < environments.used && spot >= 0; i++) {
+                values.rememberSetting(spot, settings, environments.get(i), places.get(i), contents.get(i));
+            }
+            return spot >= 0;
+        }
+
+        /**
+         * Lets the settings of the episode at hand be versions, as it ends; this begins in the stack at a place. One that
+         * cannot be evaluated again up to its end is not looked for.
+         */
+        void commit(int environment, int begin, boolean canBeAgain) {
+            boolean isEpisodeKept = false;
+            for (int i = 0; i < environments.used; i++) {
+                isEpisodeKept = addVersion(i, environment, canBeAgain) || isEpisodeKept;
+            }
+            if (isEpisodeKept) {
+                remember(values.lastEpisode(environment), begin);
+            }
+            if (length > MOST_GLOBAL || isGlobalDue) {
+                hold(newest.get(0), globalRow());
+                length = 0;
+                depth = 0;
+                isGlobalDue = false;
+            }
+            forgetSettings();
+            isGlobalSet = false;
+        }
+
+        /** Lets a setting be a version, or go into one of the episode; whether this is so. */
+        private boolean addVersion(int setting, int environment, boolean canBeAgain) {
+            int target = environments.get(setting);
+            int place = places.get(setting);
+            int stamp = values.lastStamp();
+            int before = newestOf(target, true);
+            int alone = 0; // the settings of this episode that are versions by themselves
+            int mask = 1 << place % MASK_BITS;
+            for (; alone < MOST_SETTINGS && isSettingOf(before, SETTING, stamp); alone++) {
+                mask |= 1 << heap.noteOf(before) % MASK_BITS;
+                before = heap.at(before, NEXT);
+            }
+            if (isSettingOf(before, SETTINGS, stamp)) {
+                heap.setNote(before, heap.noteOf(before) | mask);
+                return true;
+            }
+            int value = contents.get(setting);
+            if (countOf(target) == 1) {
+                int last = newestOf(target, false);
+                setNewest(target, heap.make(ALL_SET, fullAt(last), value, last, stamp));
+                return false;
+            }
+            boolean isEpisode = canBeAgain && alone == MOST_SETTINGS;
+            if (isEpisode) {
+                int episode = values.lastEpisode(environment);
+                setNewest(target, heap.make(SETTINGS, mask, episode, before, stamp));
+            } else {
+                setNewest(target, heap.make(SETTING, place, value, newestOf(target, false), stamp));
+            }
+            note(target, isEpisode, isEpisode ? 1 + depthAround(environment) : 0);
+            return isEpisode;
+        }
+
+        private boolean isSettingOf(int version, int versionKind, int stamp) {
+            return heap.kindOf(version) == versionKind && heap.at(version, STAMP) == stamp;
+        }
+
+        private boolean isVersion(int cell) {
+            int cellKind = heap.kindOf(cell);
+            return cellKind >= SETTING && cellKind <= ALL_SET;
+        }
+
+        /** The newest version of the variables of an environment; one must be made if there is only their row. */
+        private int newestOf(int environment, boolean isMade) {
+            int version = environment == 0 ? newest.get(0) : heap.at(environment, ITEM);
+            if (isMade && !isVersion(version)) {
+                version = heap.make(ALL_SET, 0, version, 0, 0);
+                heap.put(environment, ITEM, version);
+            }
+            return version;
+        }
+
+        private void setNewest(int environment, int version) {
+            if (environment == 0) {
+                newest.put(0, version);
+            } else {
+                heap.put(environment, ITEM, version);
+            }
+        }
+
+        /** Notes that there is one version more; if there are many, all variables are to be held again. */
+        private void note(int environment, boolean isEpisode, int newDepth) {
+            int count = countOf(environment);
+            int most = LEAST_LENGTH + count / 3;
+            int weight = isEpisode ? 1 + most / (LEAST_EPISODES + Math.min(MORE_EPISODES, count / 4)) : 1;
+            if (environment == 0) {
+                length++;
+                depth = Math.max(depth, newDepth);
+                return;
+            }
+            int noted = heap.noteOf(environment);
+            int versions = Math.min(LENGTH_MASK, (noted & LENGTH_MASK) + weight);
+            int deepest = Math.min(MOST_NOTE_DEPTH, Math.max(noted >>> NOTE_DEPTH_SHIFT, newDepth));
+            heap.setNote(environment, versions | deepest << NOTE_DEPTH_SHIFT);
+            if (versions > most) {
+                fill(environment);
+            }
+        }
+
+        /** Lets a version hold all variables. */
+        private void hold(int version, int row) {
+            heap.remake(version, ALL_SET, fullAt(heap.at(version, NEXT)), row, heap.at(version, NEXT));
+        }
+
+        /** The version in which all variables are held that is the newest one, from one on. */
+        private int fullAt(int version) {
+            int full = version;
+            for (int i = 0; i < MAX_ROW && full != 0 && heap.kindOf(full) != ALL_SET; i++) {
+                full = heap.at(full, NEXT);
+            }
+            return full;
+        }
+
+        // ---- values
+
+        /** The environment of a variable of code. */
+        int around(int environment, int slot) {
+            int around = environment;
+            for (int i = slot >>> DEPTH_OUT_SHIFT; i > 0; i--) {
+                around = heap.at(around, NEXT);
+            }
+            return around;
+        }
+
+        static int placeOf(int slot) {
+            return slot >> SLOT_SHIFT & PLACE_MASK;
+        }
+
+        /**
+         * What a variable is, but for what the episode at hand set it to; 0 if it has no value, or if an episode is wanted
+         * first.
+         */
+        int valueOf(int environment, int place) {
+            int version = newestOf(environment, false);
+            if (environment == 0 && (time == NOW || !isGlobalSet && heap.at(version, STAMP) < time)) {
+                return store.globalValue(place);
+            }
+            if (!isVersion(version)) {
+                return values.look(version, place);
+            }
+            boolean isBegun = search.get(2) != 0 && search.get(0) == environment && search.get(1) == place;
+            version = isBegun ? search.get(2) : time == NOW ? version : versionThen(environment, version);
+            search.put(2, 0);
+            for (int i = 0; i < MAX_ROW && version != 0; i++) {
+                int cellKind = heap.kindOf(version);
+                if (cellKind == ALL_SET) {
+                    return values.look(heap.at(version, ITEM), place);
+                }
+                if (cellKind == SETTING && heap.noteOf(version) == place) {
+                    return heap.at(version, ITEM);
+                }
+                if (cellKind == SETTINGS && (heap.noteOf(version) >> place % MASK_BITS & 1) != 0) {
+                    int found = values.settingOf(heap.at(version, ITEM), environment, place);
+                    if (values.wanted != 0) {
+                        search.put(0, environment);
+                        search.put(1, place);
+                        search.put(2, version);
+                    }
+                    if (found != Values.NONE) {
+                        return found;
+                    }
+                }
+                version = heap.at(version, NEXT);
+            }
+            return 0;
+        }
+
+        /** The newest version of an environment when the episode began that is evaluated again. */
+        private int versionThen(int environment, int newestVersion) {
+            if (memoCollections != heap.collections) {
+                memos.fillWithZeros();
+                memoCollections = heap.collections;
+            }
+            int memo = 3 * (environment * 0x9E3779B1 >>> MEMO_SHIFT);
+            boolean isKnown = memos.get(memo) == environment + 1 && time <= memos.get(memo + 1);
+            int version = isKnown ? memos.get(memo + 2) : newestVersion;
+            for (int i = 0; i < MAX_STEPS && version != 0 && heap.at(version, STAMP) >= time; i++) {
+                int further = heap.kindOf(version) == ALL_SET ? heap.noteOf(version) : 0;
+                boolean isFar = further != 0 && heap.at(further, STAMP) >= time;
+                version = isFar ? further : heap.at(version, NEXT);
+            }
+            memos.put(memo, environment + 1);
+            memos.put(memo + 1, time);
+            memos.put(memo + 2, version);
+            return version;
+        }
+
+        // ---- how deep the variables are
+
+        /** How many variables an environment has. */
+        private int countOf(int environment) {
+            if (environment == 0) {
+                return SYMBOLS;
+            }
+            int parameters = heap.at(heap.at(environment, EXTRA), ITEM);
+            return heap.kindOf(environment) == ONE_ENVIRONMENT ? 1 : (parameters >> 1) + (parameters & 1);
+        }
+
+        private int depthAt(int environment) {
+            int version = heap.at(environment, ITEM);
+            int row = isVersion(version) ? heap.at(fullAt(version), ITEM) : version;
+            return Math.max(values.depthOf(row), heap.noteOf(environment) >>> NOTE_DEPTH_SHIFT);
+        }
+
+        /** How many episodes must be evaluated again at most, one for the other, for a variable that is seen here. */
+        int depthAround(int environment) {
+            int deepest = depth;
+            int around = environment;
+            for (int i = 0; i < MAX_LEVEL && around != 0; i++) {
+                deepest = Math.max(deepest, depthAt(around));
+                around = heap.at(around, NEXT);
+            }
+            return deepest;
+        }
+
+        /** Whether no variables that are seen here are too deep; otherwise the outermost deep ones are to be filled. */
+        boolean areShallow(int environment) {
+            int around = environment;
+            int outermost = 0;
+            boolean isDeep = false;
+            for (int i = 0; i < MAX_LEVEL && around != 0; i++) {
+                int here = depthAt(around);
+                outermost = here > LEAST_DEPTH ? around : outermost;
+                isDeep = isDeep || here > LEAST_DEPTH + Math.min(MORE_DEPTH, countOf(around) / 4);
+                around = heap.at(around, NEXT);
+            }
+            isGlobalDue = isGlobalDue || isDeep && depth > LEAST_DEPTH;
+            if (isDeep) {
+                fill(outermost);
+            }
+            return !isDeep;
+        }
+
+        private void fill(int environment) {
+            filling = environment;
+            filled.used = 0;
+        }
+
+        /** Goes on with letting the variables of an environment be held as they are. */
+        void goOnFilling() {
+            int version = heap.at(filling, ITEM);
+            int full = isVersion(version) ? fullAt(version) : 0;
+            int row = full == 0 ? version : heap.at(full, ITEM);
+            boolean isOfRow = values.depthOf(row) > 0;
+            int count = countOf(filling);
+            for (int i = 0; i < MOST_LOOKED && filled.used < count; i++) {
+                int value = isOfRow ? values.look(row, filled.used) : valueOf(filling, filled.used);
+                if (values.wanted != 0) {
+                    return;
+                }
+                filled.add(value);
+            }
+            if (filled.used < count) {
+                return;
+            }
+            int plain = values.plain(filled, 0, count);
+            boolean isDone = !isOfRow || full == 0;
+            if (isOfRow) {
+                values.makePlain(row, plain, count);
+            } else if (full != 0) {
+                hold(version, plain);
+                heap.setNote(filling, 0);
+            }
+            filling = isDone ? 0 : filling;
+            filled.used = 0;
+        }
+    }
+
+    /**
      * The body of a procedure, or the program, that is evaluated at hand: the forms in it that wait for a part, and the
      * values of the parts of calls up to now. What is the last thing in the body waits for nothing.
+     *
+     * <p>When an episode is wanted, it is evaluated again on top of what is at hand, and others that it needs on top of it.
      */
     private static final class Body {
-        // What is next: to evaluate the form, to take the value, to apply a procedure.
+        // What is next: to evaluate the form, to take the value, to apply a procedure; anything above is an error's letter.
         static final int EVALUATE = 0;
         static final int TAKE = 1;
         static final int APPLY = 2;
         private static final int PLACE_SHIFT = 2;
         private static final int PLACE_PARTS = 3;
         private static final int BASE_SHIFT = 13;
+        private static final int MAX_LEVELS = 65536;
+        private static final int TASK = 9 + Variables.SEARCH;
+        private static final int MOST_TASKS = 600;
+        private static final int CELLS_KEPT = 3;
+        private static final int MOST_STEPS_AGAIN = 100000000;
 
         private final Heap heap;
-        private final Store store;
         private final Values values;
-        // For each form that waits: its slot, where the cell is that with the part at hand; where its values begin and
-        // which part of that cell it is; its path, if that was looked for.
+        private final Variables variables;
+        // For each form that waits: its slot, where the cell is that with the part at hand; at what height its values begin
+        // and which part of that cell it is; its path, if that was looked for.
         private final Row cursors;
         private final Row places;
         private final Row paths;
         private int level;
-        final Row stack; // used as far as there are values
-        int start; // where the procedure to be applied is, with its arguments behind it
-        int site; // the last cell of parts of the call that is to be applied; 0 if it is none
+        private int bottom; // the lowest level of what is at hand
+        private final Row stack; // used as far as there are values
+        private int ground; // where the values at hand begin
+        int below; // how many values wait below them
+        int start; // at what height the procedure to be applied is, with its arguments above
         int mode;
         int value;
         int environment;
         private int form;
-        char letter; // of an error, or 0
+        private final Row tasks; // what waits for an episode that is evaluated again
         private final Row saved;
         private final Row savedForm;
 
-        Body(Heap heap, Store store, Values values) {
+        Body(Heap heap, Values values, Variables variables) {
             this.heap = heap;
-            this.store = store;
             this.values = values;
-            cursors = heap.newSlotRoots(MAX_LEVEL, MAX_LEVEL);
-            places = new Row(MAX_LEVEL, MAX_LEVEL);
-            paths = heap.newRoots(MAX_LEVEL, MAX_LEVEL);
-            stack = heap.newRoots(16, MAX_ROW);
-            saved = heap.newRoots(2, 2);
+            this.variables = variables;
+            cursors = heap.newSlotRoots(MAX_LEVEL, MAX_LEVELS);
+            places = new Row(MAX_LEVEL, MAX_LEVELS);
+            paths = heap.newRoots(MAX_LEVEL, MAX_LEVELS);
+            stack = values.stack;
+            tasks = new Row(0, MAX_LEVELS);
+            saved = heap.newRoots(3, 3);
             savedForm = heap.newSlotRoots(1, 1);
             reset();
         }
@@ -3175,8 +3486,9 @@ public final class WindwardScheme {
         private void reset() {
             level = -1;
             stack.used = 0;
+            below = 0;
             start = 0;
-            site = 0;
+            values.forgetBody();
         }
 
         /** Begins to evaluate a form by itself. */
@@ -3185,18 +3497,20 @@ public final class WindwardScheme {
             environment = around;
             form = slot;
             mode = EVALUATE;
-            letter = 0;
+            values.beginBody(slot);
         }
 
         /** Ends with a value, or 0. */
         void end(int last) {
-            startWith(0, 0);
+            reset();
+            environment = 0;
+            form = 0;
             value = last;
             mode = TAKE;
         }
 
         boolean isDone() {
-            return level < 0;
+            return level < bottom;
         }
 
         /** Lets the heap see what is in use. */
@@ -3205,7 +3519,9 @@ public final class WindwardScheme {
             paths.used = level + 1;
             saved.put(0, value);
             saved.put(1, environment);
+            saved.put(2, values.wanted);
             savedForm.put(0, form);
+            heap.young = values.oldestStamp();
         }
 
         /** Lets a value be what the form at hand came to. */
@@ -3214,42 +3530,70 @@ public final class WindwardScheme {
             mode = TAKE;
         }
 
+        /** Lets a value be what the call came to that was to be applied: an episode begins with it. */
+        void giveForCall(int answer) {
+            cutTo(start);
+            give(answer);
+            if (level >= bottom) {
+                values.beginEpisode(start, pathHere(), answer);
+            }
+        }
+
         /** Lets a procedure be applied without arguments, as long as none are pushed. */
         void applyLater(int procedure) {
             reset();
+            environment = 0;
             stack.add(procedure);
             mode = APPLY;
         }
 
+        int countOfArguments() {
+            return height() - start - 1;
+        }
+
+        void push(int argument) {
+            stack.add(argument);
+        }
+
         // ---- evaluation
 
+        /** Evaluates the form at hand; if an episode is wanted for it, nothing is done. */
         void evaluate() {
             int content = form >>> SLOT_SHIFT;
+            int around = 0;
+            int place = content;
             switch (form & TAG_MASK) {
                 case CALL:
                 case BRANCH:
                     open(form, heap.at(content, 1));
-                    break;
+                    return;
                 case SEQUENCE:
-                    int first = heap.at(content, 1);
+                    int next = heap.at(content, 1);
                     if (slotBehind(content, 0) == 0) {
-                        form = first;
+                        form = next;
                     } else {
-                        open(form, first);
+                        open(form, next);
                     }
-                    break;
+                    return;
                 case LOCAL:
-                    give(values.variable(environment, form));
+                    around = variables.around(environment, form);
+                    place = Variables.placeOf(form);
                     break;
                 case GLOBAL:
-                    give(store.globalValue(content));
-                    letter = value == 0 ? 'u' : letter;
                     break;
                 case OTHER:
                     evaluateOther(content);
-                    break;
+                    return;
                 default:
                     give(content);
+                    return;
+            }
+            int found = variables.justSet(around, place);
+            found = found == Values.NONE ? variables.valueOf(around, place) : found;
+            if (found != 0) {
+                give(found);
+            } else if (values.wanted == 0) {
+                mode = 'u';
             }
         }
 
@@ -3259,7 +3603,8 @@ public final class WindwardScheme {
                     give(heap.make(CLOSURE, 0, cell, environment, values.nextStamp()));
                     break;
                 case SYNTAX:
-                    store.define(heap.at(cell, ITEM), MACRO, heap.at(cell, NEXT));
+                    variables.define(heap.at(cell, ITEM), MACRO, heap.at(cell, NEXT));
+                    variables.set(0, heap.at(cell, ITEM), 0);
                     give(NOTHING_CELL);
                     break;
                 default:
@@ -3267,11 +3612,26 @@ public final class WindwardScheme {
             }
         }
 
+        private int height() {
+            return below + stack.used - ground;
+        }
+
+        /** Lets nothing be above a height. */
+        private void cutTo(int height) {
+            stack.used = Math.max(ground, ground + height - below);
+            below = Math.min(below, height);
+        }
+
+        /** The value at a height; 0 if an episode is wanted for it first. */
+        int valueAt(int height) {
+            return height >= below ? stack.get(ground + height - below) : values.look(values.base(), height);
+        }
+
         /** Lets a form wait for one of its parts. */
         private void open(int slot, int part) {
             level++;
             cursors.put(level, slot);
-            places.put(level, stack.used << PLACE_SHIFT);
+            places.put(level, height() << PLACE_SHIFT);
             paths.put(level, 0);
             form = part;
         }
@@ -3281,7 +3641,7 @@ public final class WindwardScheme {
             return index < 2 ? heap.at(parts, index + 2) : heap.at(heap.noteOf(parts), 1);
         }
 
-        /** Takes the value for the form that waits for it. */
+        /** Takes the value for the form that waits for it; if an episode is wanted for it, nothing is done. */
         void take() {
             int slot = cursors.get(level);
             int cell = slot >>> SLOT_SHIFT;
@@ -3291,7 +3651,6 @@ public final class WindwardScheme {
                     stack.add(value);
                     if (!isNextBegun(cell)) {
                         start = places.get(level) >> PLACE_SHIFT;
-                        site = cell;
                         level--;
                         mode = APPLY;
                     }
@@ -3310,9 +3669,27 @@ public final class WindwardScheme {
                     }
                     break;
                 default:
-                    level--;
-                    assign(cell);
+                    int symbol = heap.kindOf(cell) == SET_GLOBAL ? heap.at(cell, ITEM) : -1;
+                    int before = symbol < 0 ? 1 : variables.justSet(0, symbol);
+                    before = before == Values.NONE ? variables.valueOf(0, symbol) : before;
+                    if (before != 0) {
+                        assign(cell);
+                    } else if (values.wanted == 0) {
+                        mode = 'u';
+                    }
             }
+        }
+
+        private void assign(int cell) {
+            int target = heap.at(cell, ITEM);
+            if (heap.kindOf(cell) == SET_LOCAL) {
+                variables.set(variables.around(environment, target), Variables.placeOf(target), value);
+            } else {
+                variables.define(target, VARIABLE, value);
+                variables.set(0, target, value);
+            }
+            level--;
+            value = NOTHING_CELL;
         }
 
         /** Goes on to the next part of a form, if there is one. */
@@ -3330,37 +3707,23 @@ public final class WindwardScheme {
             return next != 0;
         }
 
-        private void assign(int cell) {
-            int target = heap.at(cell, ITEM);
-            int cellKind = heap.kindOf(cell);
-            if (cellKind == SET_LOCAL) {
-                values.setVariable(environment, target, value);
-            } else if (cellKind == SET_GLOBAL && store.globalValue(target) == 0) {
-                letter = 'u';
-            } else {
-                store.define(target, VARIABLE, value);
-            }
-            value = NOTHING_CELL;
-        }
-
         // ---- frames
+
+        /** Whether the body waits for what is applied. */
+        boolean waits() {
+            return level >= bottom;
+        }
 
         /** Leaves the body for an application: the frames ahead of which is what is still to be done in it. */
         int leave(int frames) {
-            stack.used = start;
-            if (level < 0) {
+            if (level < bottom) {
                 return frames;
             }
-            int path = pathHere();
-            int row = values.pack(stack, 0, stack.used, path << 2);
-            int frame = heap.make(BODY_FRAME, path, row, frames, environment);
+            int row = values.rowOf(below, 0, start, environment, 1 + variables.depthAround(environment));
+            cutTo(start);
+            int frame = heap.make(BODY_FRAME, pathHere(), row, frames, environment);
             reset();
             return frame;
-        }
-
-        /** Whether leaving the body makes a frame. */
-        boolean waits() {
-            return level >= 0;
         }
 
         private int pathHere() {
@@ -3368,7 +3731,7 @@ public final class WindwardScheme {
             for (int i = 0; i <= level; i++) {
                 if (paths.get(i) == 0) {
                     int base = places.get(i) >> PLACE_SHIFT;
-                    int behind = i < level ? places.get(i + 1) >> PLACE_SHIFT : stack.used;
+                    int behind = i < level ? places.get(i + 1) >> PLACE_SHIFT : height();
                     int place = base << BASE_SHIFT | behind - base << PLACE_SHIFT | places.get(i) & PLACE_PARTS;
                     paths.put(i, heap.makeShared(PATH, 0, cursors.get(i), path, place));
                 }
@@ -3383,23 +3746,24 @@ public final class WindwardScheme {
             return (place >> BASE_SHIFT) + (place >> PLACE_SHIFT & PLACE_MASK);
         }
 
-        /** How many values there are here, or are to be when a frame is gone on with. */
-        int countOfValues(int frame) {
-            return level < 0 && mode == TAKE && heap.kindOf(frame) == BODY_FRAME ? countAt(heap.noteOf(frame)) : stack.used;
-        }
-
         /** Goes on with the body of a frame, where the value at hand is waited for. */
         void resume(int frame) {
             int path = heap.noteOf(frame);
-            stack.used = countAt(path);
-            values.unpack(heap.at(frame, ITEM), stack.used, stack);
+            reset();
             environment = heap.at(frame, EXTRA);
-            level = -1;
-            for (int cell = path; level < MAX_FORMS_AROUND && cell != 0; cell = heap.at(cell, NEXT)) {
+            goTo(path);
+            values.resumeBody(heap.at(frame, ITEM), below, path, value);
+        }
+
+        /** Lets the forms of a path wait, the innermost one for the value at hand. */
+        private void goTo(int path) {
+            below = countAt(path);
+            level = bottom - 1;
+            for (int cell = path; level < MAX_LEVELS && cell != 0; cell = heap.at(cell, NEXT)) {
                 level++;
             }
             int at = path;
-            for (int i = level; i >= 0; i--) {
+            for (int i = level; i >= bottom; i--) {
                 int place = heap.at(at, EXTRA);
                 cursors.put(i, heap.at(at, ITEM));
                 places.put(i, place >> BASE_SHIFT << PLACE_SHIFT | place & PLACE_PARTS);
@@ -3408,38 +3772,163 @@ public final class WindwardScheme {
             }
             mode = TAKE;
         }
+
+        // ---- episodes that are evaluated again
+
+        /** Evaluates the episode that is wanted again, and those that are wanted for it; whether there was room for it. */
+        boolean recall(int reserve) {
+            boolean isRight = true;
+            for (int i = 0; i < MOST_STEPS_AGAIN && isRight && (values.wanted != 0 || tasks.used > 0); i++) {
+                isRight = stack.used < MOST_STACKED && tasks.used < TASK * MOST_TASKS;
+                if (heap.freeCells < STEP) {
+                    save();
+                    isRight = heap.makeRoom(STEP, reserve) && isRight;
+                }
+                if (!isRight) {
+                    break;
+                }
+                if (values.isRow(values.wanted)) {
+                    isRight = values.unpack(values.wanted);
+                    values.wanted = 0;
+                } else if (values.wanted != 0) {
+                    beginAgain(values.wanted);
+                } else if (mode == EVALUATE) {
+                    evaluate();
+                } else if (mode == TAKE && level >= bottom) {
+                    take();
+                } else {
+                    isRight = variables.remember(stack.get(ground - 1), ground);
+                    dropTask();
+                }
+            }
+            boolean isDone = isRight && values.wanted == 0 && tasks.used == 0;
+            dropTasks();
+            return isDone;
+        }
+
+        private void beginAgain(int episode) {
+            values.wanted = 0;
+            tasks.add(level);
+            tasks.add(bottom);
+            tasks.add(ground);
+            tasks.add(below);
+            tasks.add(start);
+            tasks.add(mode);
+            tasks.add(values.stamps);
+            tasks.add(variables.time);
+            tasks.add(variables.first);
+            for (int i = 0; i < Variables.SEARCH; i++) {
+                tasks.add(variables.search.get(i));
+                variables.search.put(i, 0);
+            }
+            stack.add(value);
+            stack.add(environment);
+            stack.add(episode);
+            level++;
+            cursors.put(level, form);
+            places.put(level, 0);
+            paths.put(level, 0);
+            bottom = level + 1;
+            ground = stack.used;
+            below = 0;
+            values.stamps = heap.at(episode, STAMP);
+            variables.time = values.stamps;
+            variables.first = variables.countOfSettings();
+            environment = heap.at(episode, AROUND);
+            if (heap.kindOf(episode) == BEGUN) {
+                form = heap.at(episode, ITEM);
+                mode = EVALUATE;
+            } else {
+                value = heap.at(episode, ITEM);
+                goTo(heap.noteOf(episode));
+            }
+        }
+
+        /** Goes back to what waited for an episode. */
+        private void dropTask() {
+            variables.forgetSettings();
+            value = stack.get(ground - CELLS_KEPT);
+            environment = stack.get(ground - CELLS_KEPT + 1);
+            form = cursors.get(bottom - 1);
+            stack.used = ground - CELLS_KEPT;
+            int task = tasks.used - TASK;
+            level = tasks.get(task);
+            bottom = tasks.get(task + 1);
+            ground = tasks.get(task + 2);
+            below = tasks.get(task + 3);
+            start = tasks.get(task + 4);
+            mode = tasks.get(task + 5);
+            values.stamps = tasks.get(task + 6);
+            variables.time = tasks.get(task + 7);
+            variables.first = tasks.get(task + 8);
+            for (int i = 0; i < Variables.SEARCH; i++) {
+                variables.search.put(i, tasks.get(task + 9 + i));
+            }
+            tasks.used = task;
+        }
+
+        private void dropTasks() {
+            for (int i = 0; i < MAX_LEVELS && tasks.used >= TASK; i++) {
+                dropTask();
+            }
+            values.wanted = 0;
+        }
     }
 
     /** The run at hand: procedures are applied, and what is still to be done behind a body is a chain of frames. */
     private static final class Machine {
+        // What is counted, of all runs.
+        static final int APPLICATIONS = 0;
+        static final int APPLICATIONS_OF_ENDED = 1;
+        static final int EXPANSIONS = 2;
+        static final int ENTERED = 3;
+        static final int LEFT = 4;
+        static final int JUMPS = 5;
+        static final int ENDED = 6;
+        static final int ENDED_WITH_VALUE = 7;
+        static final int ABANDONED = 8; // winds that were entered when a run ended with an error or another one was begun
+        private static final int APPLICATIONS_OF_RUN = 9;
+        private static final int TALLIES = 10;
         private static final byte[] ARGUMENTS = {2, 2, 2, 2, 2, 2, 2, 1, 1, 1, 1, 2, 1, 3, 2, 1, 2, 1, 2, 1};
-        private static final int MOST_PAIRS = 3;
-        private static final int REGISTERS = 4;
+        private static final int MOST_ARGUMENTS = 3;
+        private static final int PROCEDURE = 3; // behind the arguments of a primitive
+        private static final int ANSWER = 4;
+        private static final int FIRST_SYMBOL = 17;
+        private static final int REST_SYMBOL = 18;
+        private static final int FIRST_CONTROL = 22;
+        private static final int NOT_SYMBOL = 25;
+        private static final int REGISTERS = 5;
         private static final int ENTERING = 1;
+        private static final int CELLS_OF_EPISODE = 16;
+        private static final int CELLS_OF_SETTING = 4;
+        private static final int MOST_RECALLS = 20000;
 
         private final Heap heap;
-        private final Store store;
         private final Values values;
-        private final Counts counts;
+        private final Variables variables;
         private final Body body;
+        private final long[] tallies;
         private final Row saved;
-        private final Row arguments; // of a primitive
+        private final Row arguments; // of a primitive, the procedure, and what first comes to
         private int due; // behind an application, when the body is left: the symbol of a primitive, or ENTERING
         private int inner; // the environment of the body that is then entered
-        char status; // 0 ahead of the first program, 'r', 'v', or the letter of an error
+        private char status; // 0 ahead of the first program, 'r', 'v', or the letter of an error
+        private int result;
         private int frames;
         private int list; // the arguments, if they are the parts of a list; otherwise 0
         private int topWind;
         private int topHandler;
+        private int found; // of the procedure and the arguments, for what is applied next
+        private int recalls; // that were needed for what is done next
 
-        Machine(Heap heap, Store store, Values values, Counts counts) {
+        Machine(Heap heap, Values values, Variables variables, Body body) {
             this.heap = heap;
-            this.store = store;
             this.values = values;
-            this.counts = counts;
-            body = new Body(heap, store, values);
+            this.variables = variables;
+            this.body = body;
+            tallies = new long[TALLIES];
             saved = heap.newRoots(REGISTERS, REGISTERS);
-            arguments = new Row(3, 3);
+            arguments = heap.newRoots(ANSWER + 1, ANSWER + 1);
         }
 
         boolean isBegun() {
@@ -3450,9 +3939,24 @@ public final class WindwardScheme {
             return status == 0 || status == 'r' || status == 'v' ? status : 'e';
         }
 
+        /** The letter of the error with which the run ended. */
+        char letter() {
+            return status;
+        }
+
         /** The value with which the run ended. */
         int result() {
-            return body.value;
+            return result;
+        }
+
+        long tally(int which) {
+            return which >= 0 && which < tallies.length ? tallies[which] : 0;
+        }
+
+        void count(int which, long times) {
+            if (which >= 0 && which < tallies.length) {
+                tallies[which] += times;
+            }
         }
 
         private int depthOf(int wind) {
@@ -3469,14 +3973,15 @@ public final class WindwardScheme {
 
         /** Gives up what there was of an earlier run. */
         void stop() {
-            counts.abandoned += countOfWinds();
-            giveUp(0);
+            tallies[ABANDONED] += countOfWinds();
+            variables.commit(body.environment, values.beginOfLast() - body.below, true);
+            giveUp();
             save();
         }
 
         /** Begins with this program; with 0, which is a wrong one, it ends at once. */
         char start(int program, char wrong) {
-            counts.applicationsOfRun = 0;
+            tallies[APPLICATIONS_OF_RUN] = 0;
             status = 'r';
             body.startWith(program, 0);
             if (program == 0) {
@@ -3489,52 +3994,67 @@ public final class WindwardScheme {
         char goOn(int units) {
             int fuel = units;
             for (int i = 0; i < MAX_STEPS && status == 'r' && (body.mode != Body.APPLY || fuel > 0); i++) {
-                int needed = STEP + 5 * body.countOfValues(frames) + 16 * values.largest + (list == 0 ? 0 : 2 * SLACK);
-                if (heap.freeCells < needed) {
+                recalls = values.wanted == 0 ? 0 : recalls + 1;
+                boolean hasRoom = hasRoom();
+                if (hasRoom && values.wanted != 0) {
                     save();
-                    if (!heap.makeRoom(needed, RESERVE)) {
-                        fail('o');
-                        break;
-                    }
-                }
-                if (body.mode == Body.EVALUATE) {
+                    hasRoom = recalls < MOST_RECALLS && body.recall(RESERVE);
+                } else if (hasRoom && variables.filling != 0) {
+                    variables.goOnFilling();
+                } else if (hasRoom && body.mode == Body.EVALUATE) {
                     body.evaluate();
-                } else if (body.mode == Body.APPLY) {
+                } else if (hasRoom && body.mode == Body.TAKE && !body.isDone()) {
+                    body.take();
+                } else if (hasRoom && body.mode == Body.TAKE) {
+                    variables.commit(body.environment, values.beginOfLast() - body.below, true);
+                    if (frames == 0) {
+                        finish();
+                    } else {
+                        giveToFrame(frames);
+                    }
+                } else if (hasRoom && isReady()) {
+                    variables.commit(body.environment, values.beginOfLast() - body.below, true);
                     fuel--;
-                    counts.applications++;
-                    counts.applicationsOfRun++;
-                    int procedure = body.stack.get(body.start);
+                    tallies[APPLICATIONS]++;
+                    tallies[APPLICATIONS_OF_RUN]++;
+                    int procedure = arguments.get(PROCEDURE);
+                    found = 0;
                     due = 0;
-                    switch (heap.kindOf(procedure)) {
-                        case CLOSURE:
-                            bind(procedure);
-                            break;
-                        case PRIMITIVE:
-                            applyPrimitive(heap.at(procedure, AMOUNT));
-                            break;
-                        case CONTINUATION:
-                            applyContinuation(procedure);
-                            break;
-                        default:
-                            body.letter = 'n';
+                    if (heap.kindOf(procedure) == CLOSURE) {
+                        bind(procedure);
+                    } else if (heap.kindOf(procedure) == PRIMITIVE) {
+                        applyPrimitive(heap.at(procedure, AMOUNT));
+                    } else if (heap.kindOf(procedure) == CONTINUATION && argumentCount() == 1) {
+                        jump(procedure, arguments.get(0), 0);
+                    } else {
+                        body.mode = heap.kindOf(procedure) == CONTINUATION ? 'a' : 'n';
                     }
                     list = 0;
                     if (due != 0) {
-                        values.packVariables(body.waits() ? body.environment : 0, 5 * body.stack.used);
                         frames = body.leave(frames);
                         goInto(procedure);
                     }
-                } else if (body.isDone()) {
-                    giveToFrame();
-                } else {
-                    body.take();
                 }
-                if (body.letter != 0) {
-                    fail(body.letter);
+                if (!hasRoom || body.mode > Body.APPLY) {
+                    variables.commit(body.environment, values.beginOfLast() - body.below, hasRoom);
+                    fail(hasRoom ? (char) body.mode : 'o');
                 }
             }
             save();
             return stateNow();
+        }
+
+        /** Whether there is room for the next step. */
+        private boolean hasRoom() {
+            int needed = STEP
+                    + CELLS_OF_EPISODE * values.countOfEpisodes()
+                    + CELLS_OF_SETTING * variables.countOfSettings()
+                    + (list == 0 ? 0 : 2 * SLACK);
+            if (heap.freeCells >= needed) {
+                return true;
+            }
+            save();
+            return heap.makeRoom(needed, RESERVE);
         }
 
         /** Lets the heap see what is in use. */
@@ -3544,32 +4064,38 @@ public final class WindwardScheme {
             saved.put(1, topWind);
             saved.put(2, topHandler);
             saved.put(3, list);
+            saved.put(4, result);
         }
 
-        private void giveUp(int last) {
-            body.end(last);
+        private void giveUp() {
+            body.end(0);
+            found = 0;
+            variables.forgetAll();
             frames = 0;
             list = 0;
             topWind = 0;
             topHandler = 0;
+            result = 0;
         }
 
         private void fail(char errorLetter) {
-            counts.abandoned += countOfWinds();
-            giveUp(0);
+            tallies[ABANDONED] += countOfWinds();
+            giveUp();
             end(errorLetter);
         }
 
         private void finish() {
-            giveUp(body.value);
+            int last = body.value;
+            giveUp();
+            result = last;
             end('v');
-            counts.endedWithValue++;
+            tallies[ENDED_WITH_VALUE]++;
         }
 
         private void end(char how) {
             status = how;
-            counts.ended++;
-            counts.applicationsOfEnded += counts.applicationsOfRun;
+            tallies[ENDED]++;
+            tallies[APPLICATIONS_OF_ENDED] += tallies[APPLICATIONS_OF_RUN];
         }
 
         private void push(int frameKind, int subject, int extra) {
@@ -3578,12 +4104,7 @@ public final class WindwardScheme {
 
         // ---- frames
 
-        private void giveToFrame() {
-            int frame = frames;
-            if (frame == 0) {
-                finish();
-                return;
-            }
+        private void giveToFrame(int frame) {
             frames = heap.at(frame, NEXT);
             int subject = heap.at(frame, ITEM);
             int extra = heap.at(frame, EXTRA);
@@ -3621,13 +4142,13 @@ public final class WindwardScheme {
 
         private void enter(int wind) {
             topWind = wind;
-            counts.entered++;
+            tallies[ENTERED]++;
         }
 
         /** Leaves the innermost wind, and applies its after. */
         private void leaveWind(int wind) {
             topWind = heap.at(wind, NEXT);
-            counts.left++;
+            tallies[LEFT]++;
             topHandler = heap.at(wind, EXTRA);
             body.applyLater(heap.at(heap.at(wind, ITEM), NEXT));
         }
@@ -3635,92 +4156,102 @@ public final class WindwardScheme {
         // ---- applications
 
         private int argumentCount() {
-            return list == 0 ? body.stack.used - body.start - 1 : values.lengthOf(list);
+            return list == 0 ? body.countOfArguments() : values.lengthOf(list);
+        }
+
+        /**
+         * Whether all is at hand that the application needs, and nothing around is too deep; otherwise an episode is wanted,
+         * or variables are to be filled. What was found is not looked for again.
+         */
+        private boolean isReady() {
+            int procedure = found > 0 ? arguments.get(PROCEDURE) : body.valueAt(body.start);
+            int symbol = heap.kindOf(procedure) == PRIMITIVE ? heap.at(procedure, AMOUNT) : 0;
+            boolean isLeft = symbol == 0 || symbol >= FIRST_CONTROL && symbol != NOT_SYMBOL;
+            if (procedure == 0 || isLeft && !variables.areShallow(body.environment)) {
+                return false;
+            }
+            arguments.put(PROCEDURE, procedure);
+            found = Math.max(found, 1);
+            int needed = symbol == 0 ? 1 : argumentsOf(symbol);
+            if (heap.kindOf(procedure) == CLOSURE || argumentCount() != needed) {
+                return true;
+            }
+            for (; found <= needed; found++) {
+                int left = list == 0 ? 0 : values.tailOf(list, found - 1);
+                int argument = list == 0 ? body.valueAt(body.start + found) : values.firstOf(left);
+                if (argument == 0) {
+                    return false;
+                }
+                arguments.put(found - 1, argument);
+            }
+            boolean isFirst = symbol == FIRST_SYMBOL && values.isPair(arguments.get(0));
+            arguments.put(ANSWER, isFirst ? values.firstOf(arguments.get(0)) : 0);
+            return !isFirst || arguments.get(ANSWER) != 0;
+        }
+
+        private static int argumentsOf(int symbol) {
+            int place = symbol - FIRST_PRIMITIVE;
+            return place >= 0 && place < ARGUMENTS.length ? ARGUMENTS[place] : 0;
         }
 
         /** Makes the environment in which the body of a closure is evaluated. */
         private void bind(int closure) {
             int lambda = heap.at(closure, CODE);
-            int around = heap.at(closure, AROUND);
             int parameters = heap.at(lambda, ITEM) >> 1;
             boolean hasRest = (heap.at(lambda, ITEM) & 1) != 0;
             int count = argumentCount();
             if (count < parameters || count > parameters && !hasRest) {
-                body.letter = 'a';
+                body.mode = 'a';
                 return;
             }
-            Row stack = body.stack;
-            int first = body.start + 1;
-            int key = lambda * 31 + body.site << 2;
-            int left = list;
-            for (int i = 0; i < parameters && list != 0; i++) {
-                stack.put(first + i, values.firstOf(left));
-                left = values.restOf(left);
-            }
-            int extra = count - parameters;
-            int rest = EMPTY_CELL;
-            if (hasRest && list != 0) {
-                rest = values.copyOf(left);
-            } else if (extra > MOST_PAIRS) {
-                rest = values.listOf(values.pack(stack, first + parameters, extra, key | 2));
-            } else {
-                for (int i = extra - 1; i >= 0; i--) {
-                    rest = values.pairOf(stack.get(first + parameters + i), rest);
-                }
-            }
+            int depth = 1 + variables.depthAround(body.environment);
+            int from = body.start + 1;
+            int to = from + parameters;
+            int row = list == 0
+                    ? values.rowOf(body.below, from, to, body.environment, depth)
+                    : values.rowOfList(list, parameters);
             if (hasRest) {
-                stack.put(first + parameters, rest);
+                int extra = count - parameters;
+                int rest = EMPTY_CELL;
+                if (list != 0) {
+                    rest = values.copyOf(values.tailOf(list, parameters));
+                } else if (extra > 0) {
+                    int more = values.rowOf(body.below, to, to + extra, body.environment, depth);
+                    rest = values.isRow(more) ? values.listOf(more, extra) : values.pairOf(more, EMPTY_CELL);
+                }
+                row = values.joined(row, parameters, rest);
             }
             int bound = parameters + (hasRest ? 1 : 0);
-            inner = around;
-            if (bound == 1) {
-                inner = heap.make(ONE_ENVIRONMENT, 0, stack.get(first), around, 0);
-            } else if (bound > 1) {
-                int row = values.pack(stack, first, bound, key | 1);
-                inner = heap.make(ENVIRONMENT, 0, row, around, lambda);
+            inner = heap.at(closure, AROUND);
+            if (bound == 1 && !values.isRow(row)) {
+                inner = heap.make(ONE_ENVIRONMENT, 0, row, inner, 0);
+            } else if (bound > 0) {
+                inner = heap.make(ENVIRONMENT, 0, row, inner, lambda);
             }
             due = ENTERING;
         }
 
-        private void applyContinuation(int continuation) {
-            if (argumentCount() == 1) {
-                int carried = list == 0 ? body.stack.get(body.start + 1) : values.firstOf(list);
-                jump(continuation, carried, 0);
-            } else {
-                body.letter = 'a';
-            }
-        }
-
         /** Applies a primitive; one that changes what is still to be done is then due. */
         private void applyPrimitive(int symbol) {
-            int place = symbol - FIRST_PRIMITIVE;
-            int count = place >= 0 && place < ARGUMENTS.length ? ARGUMENTS[place] : 0;
-            if (argumentCount() != count) {
-                body.letter = 'a';
+            if (argumentCount() != argumentsOf(symbol)) {
+                body.mode = 'a';
                 return;
             }
-            int left = list;
-            for (int i = 0; i < count; i++) {
-                arguments.put(i, list == 0 ? body.stack.get(body.start + 1 + i) : values.firstOf(left));
-                left = list == 0 ? 0 : values.restOf(left);
-            }
-            if (symbol >= 22 && symbol != 25) {
+            if (symbol >= FIRST_CONTROL && symbol != NOT_SYMBOL) {
                 due = symbol;
                 return;
             }
             int one = arguments.get(0);
-            boolean isOfPairs = symbol == 17 || symbol == 18;
             int answer = -'t';
-            if (!isOfPairs) {
+            if (symbol != FIRST_SYMBOL && symbol != REST_SYMBOL) {
                 answer = values.answer(symbol, one, arguments.get(1));
             } else if (values.isPair(one)) {
-                answer = symbol == 17 ? values.firstOf(one) : values.restOf(one);
+                answer = symbol == FIRST_SYMBOL ? arguments.get(ANSWER) : values.restOf(one);
             }
             if (answer < 0) {
-                body.letter = (char) -answer;
+                body.mode = -answer;
             } else {
-                body.stack.used = body.start;
-                body.give(answer);
+                body.giveForCall(answer);
             }
         }
 
@@ -3738,7 +4269,7 @@ public final class WindwardScheme {
             switch (symbol) {
                 case 22:
                     body.applyLater(one);
-                    body.stack.add(heap.make(CONTINUATION, 0, frames, topWind, topHandler));
+                    body.push(heap.make(CONTINUATION, 0, frames, topWind, topHandler));
                     break;
                 case 23:
                     wind(one, other, third);
@@ -3747,7 +4278,7 @@ public final class WindwardScheme {
                     body.applyLater(one);
                     list = other;
                     if (values.lengthOf(other) < 0) {
-                        body.letter = 't';
+                        body.mode = 't';
                     }
                     break;
                 case 26:
@@ -3757,7 +4288,7 @@ public final class WindwardScheme {
                 case 27:
                     int prompt = innermostPrompt();
                     if (prompt == 0) {
-                        body.letter = 'w';
+                        body.mode = 'w';
                     } else {
                         jump(heap.at(prompt, EXTRA), one, heap.at(prompt, ITEM));
                     }
@@ -3785,14 +4316,14 @@ public final class WindwardScheme {
 
         private void raise(int raised) {
             if (topHandler == 0) {
-                body.letter = 'h';
+                body.mode = 'h';
                 return;
             }
             int handler = topHandler;
             push(HANDLER_FRAME, handler, 0);
             topHandler = heap.at(handler, NEXT);
             body.applyLater(heap.at(handler, ITEM));
-            body.stack.add(raised);
+            body.push(raised);
         }
 
         /** The frame of the innermost prompt; 0 if there is none. */
@@ -3806,7 +4337,7 @@ public final class WindwardScheme {
 
         /** Jumps to a continuation, where the value goes on, or is taken by a procedure. */
         private void jump(int target, int carried, int taker) {
-            counts.jumps++;
+            tallies[JUMPS]++;
             int goal = heap.make(GOAL, 0, target, carried, taker);
             frames = 0;
             push(JUMP_FRAME, goal, innermostOfBoth(topWind, heap.at(target, WINDS)));
@@ -3859,7 +4390,7 @@ public final class WindwardScheme {
                 body.give(carried);
             } else {
                 body.applyLater(taker);
-                body.stack.add(carried);
+                body.push(carried);
             }
         }
     }
