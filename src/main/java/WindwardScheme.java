@@ -3158,16 +3158,18 @@ public final class WindwardScheme {
         }
 
         /**
-         * Lets the settings of the episode at hand be versions, as it ends; this begins in the stack at a place. One that
-         * cannot be evaluated again up to its end is not looked for.
+         * Lets the settings of the episode at hand be versions, as it ends. If they are many, they are looked for in the
+         * episode, of which the values begin in the stack at a place; but not if it cannot be evaluated again up to its end.
          */
         void commit(int environment, int begin, boolean canBeAgain) {
-            boolean isEpisodeKept = false;
+            boolean areMany = canBeAgain && environments.used > MOST_SETTINGS;
+            int episode = areMany ? values.lastEpisode(environment) : 0;
+            int newDepth = areMany ? 1 + depthAround(environment) : 0;
             for (int i = 0; i < environments.used; i++) {
-                isEpisodeKept = addVersion(i, environment, canBeAgain) || isEpisodeKept;
+                addVersion(i, episode, newDepth);
             }
-            if (isEpisodeKept) {
-                remember(values.lastEpisode(environment), begin);
+            if (areMany) {
+                remember(episode, begin);
             }
             if (length > MOST_GLOBAL || isGlobalDue) {
                 hold(newest.get(0), globalRow());
@@ -3179,41 +3181,24 @@ public final class WindwardScheme {
             isGlobalSet = false;
         }
 
-        /** Lets a setting be a version, or go into one of the episode; whether this is so. */
-        private boolean addVersion(int setting, int environment, boolean canBeAgain) {
+        /** Lets a setting be a version, or be among those of the episode; 0 is none. */
+        private void addVersion(int setting, int episode, int newDepth) {
             int target = environments.get(setting);
             int place = places.get(setting);
             int stamp = values.lastStamp();
             int before = newestOf(target, true);
-            int alone = 0; // the settings of this episode that are versions by themselves
-            int mask = 1 << place % MASK_BITS;
-            for (; alone < MOST_SETTINGS && isSettingOf(before, SETTING, stamp); alone++) {
-                mask |= 1 << heap.noteOf(before) % MASK_BITS;
-                before = heap.at(before, NEXT);
-            }
-            if (isSettingOf(before, SETTINGS, stamp)) {
-                heap.setNote(before, heap.noteOf(before) | mask);
-                return true;
-            }
-            int value = contents.get(setting);
-            if (countOf(target) == 1) {
-                int last = newestOf(target, false);
-                setNewest(target, heap.make(ALL_SET, fullAt(last), value, last, stamp));
-                return false;
-            }
-            boolean isEpisode = canBeAgain && alone == MOST_SETTINGS;
-            if (isEpisode) {
-                int episode = values.lastEpisode(environment);
-                setNewest(target, heap.make(SETTINGS, mask, episode, before, stamp));
+            int bit = 1 << place % MASK_BITS;
+            boolean isAlone = countOf(target) == 1;
+            if (heap.kindOf(before) == SETTINGS && heap.at(before, STAMP) == stamp) {
+                heap.setNote(before, heap.noteOf(before) | bit);
+            } else if (episode == 0 && isAlone) {
+                setNewest(target, heap.make(ALL_SET, fullAt(before), contents.get(setting), before, stamp));
             } else {
-                setNewest(target, heap.make(SETTING, place, value, newestOf(target, false), stamp));
+                setNewest(target, episode == 0
+                        ? heap.make(SETTING, place, contents.get(setting), before, stamp)
+                        : heap.make(SETTINGS, bit, episode, before, stamp));
+                note(target, episode != 0, newDepth);
             }
-            note(target, isEpisode, isEpisode ? 1 + depthAround(environment) : 0);
-            return isEpisode;
-        }
-
-        private boolean isSettingOf(int version, int versionKind, int stamp) {
-            return heap.kindOf(version) == versionKind && heap.at(version, STAMP) == stamp;
         }
 
         private boolean isVersion(int cell) {
