@@ -47,11 +47,11 @@ public final class WindwardScheme {
     private static final int EMPTY = 5;
     private static final int PAIR = 6; // first part, other part, measure or, if a program made it, length; note: see Expander
     private static final int NOTHING = 7;
-    private static final int CLOSURE = 8; // lambda, environment, stamp
+    private static final int CLOSURE = 8; // lambda, environment, stamp; note: its parameters
     private static final int PRIMITIVE = 9; // its symbol
     private static final int CONTINUATION = 10; // frames, winds, handlers
     private static final int VIEW = 11; // what it is a list of, place in it, stamp; note: how many values a row has
-    private static final int COPIED = 12; // first part, other part; note: which pair of its datum it is
+    private static final int QUOTED = 12; // a pair of a program: see Store, nothing, stamp
     // Kinds of cells: what macros and lambdas are seen by.
     private static final int LINK = 13; // item, next
     private static final int SCOPE = 14; // name, next; note: see Expander
@@ -62,42 +62,35 @@ public final class WindwardScheme {
     private static final int JOINED = 18; // row, row behind it, place in the first one and depth; note: values of the first one
     private static final int LISTED = 19; // list, depth
     // Kinds of cells: episodes.
-    private static final int BEGUN = 20; // slot of a body, environment, stamp
+    private static final int BEGUN = 20; // slot of a body, environment, stamp; note: program
     private static final int RESUMED = 21; // value, environment, stamp; note: path
     // Kinds of cells: what variables are bound to: see Variables.
     private static final int ONE_ENVIRONMENT = 22; // value or version, the environment around
-    private static final int ENVIRONMENT = 23; // row or version, the environment around, lambda; note: versions and depth
+    private static final int ENVIRONMENT = 23; // row or version, the environment around, variables; note: versions and depth
     private static final int SETTING = 24; // value, the version before, stamp; note: place
     private static final int SETTINGS = 25; // episode, the version before, stamp; note: mask of places
     private static final int ALL_SET = 26; // row, the version before, stamp; note: the one before of this kind
-    // Kinds of cells: code.
-    private static final int PARTS = 27; // three slots; note: next
-    private static final int LAMBDA = 28; // twice the parameters and 1 for a rest, parts of the body
-    private static final int SET_LOCAL = 29; // variable, slot
-    private static final int SET_GLOBAL = 30; // symbol, slot
-    private static final int DEFINITION = 31; // symbol, slot
-    private static final int SYNTAX = 32; // symbol, literals and rules
+    private static final int MEANING = 27; // literals and rules, what was before; note: symbol and meaning
     // Kinds of cells: what is still to be done.
-    private static final int PATH = 33; // slot of the form with its part at hand, path of the form around, place
-    private static final int BODY_FRAME = 34; // row of values, next, environment; note: path
-    private static final int HANDLER_FRAME = 35; // handlers to come back to, next
-    private static final int PROMPT_FRAME = 36; // handler, next, continuation of the prompt
-    private static final int BEFORE_FRAME = 37; // wind, next, during
-    private static final int DURING_FRAME = 38; // wind, next
-    private static final int AFTER_FRAME = 39; // value, next
-    private static final int JUMP_FRAME = 40; // goal, next, innermost wind that stays
-    private static final int ENTER_FRAME = 41; // goal, next, wind to be entered
+    private static final int PATH = 28; // slot of the form with its part at hand, path of the form around, place; note: program
+    private static final int BODY_FRAME = 29; // row of values, next, environment; note: path
+    private static final int HANDLER_FRAME = 30; // handlers to come back to, next
+    private static final int PROMPT_FRAME = 31; // handler, next, continuation of the prompt
+    private static final int BEFORE_FRAME = 32; // wind, next, during
+    private static final int DURING_FRAME = 33; // wind, next
+    private static final int AFTER_FRAME = 34; // value, next
+    private static final int JUMP_FRAME = 35; // goal, next, innermost wind that stays
+    private static final int ENTER_FRAME = 36; // goal, next, wind to be entered
     // Kinds of cells: what frames and registers hold.
-    private static final int WIND = 42; // thunks, the wind around it, handlers; note: a wind further out
-    private static final int THUNKS = 43; // before, after, how many winds there are with it
-    private static final int HANDLER = 44; // procedure, the handler around it, how many handlers there are with it
-    private static final int GOAL = 45; // continuation, value, procedure that takes it or 0
+    private static final int WIND = 37; // thunks, the wind around it, handlers; note: a wind further out
+    private static final int THUNKS = 38; // before, after, how many winds there are with it
+    private static final int HANDLER = 39; // procedure, the handler around it, how many handlers there are with it
+    private static final int GOAL = 40; // continuation, value, procedure that takes it or 0
 
-    // The fields of a cell that name other cells, by kind: 1 the first field, 2 the second, 4 the third, 8 the note;
-    // and those that are slots: 16 the first field, 32 the second, 64 the third.
+    // The fields of a cell that name other cells, by kind: 1 the first field, 2 the second, 4 the third, 8 the note.
     private static final byte[] REFERENCES = {
-        0, 0, 0, 1, 0, 0, 3, 0, 3, 0, 7, 1, 3, 3, 3, 7, 15, 1, 3, 1, 18, 11, 3, 7, 3, 3, 11, 120, 2, 32, 32, 32, 2, 18, 15, 3,
-        7, 7, 3, 3, 7, 7, 15, 3, 3, 7
+        0, 0, 0, 1, 0, 0, 3, 0, 2, 0, 7, 1, 0, 3, 3, 7, 15, 1, 3, 1, 2, 11, 3, 3, 3, 3, 11, 3, 2, 15, 3, 7, 7, 3, 3, 7, 7,
+        15, 3, 3, 7
     };
 
     // The fields of cells, by the names that fit their kinds.
@@ -119,19 +112,29 @@ public final class WindwardScheme {
     private static final int WINDS = 2;
     private static final int HANDLERS = 3;
 
-    // What a slot of code holds, by its lowest bits. Up to QUOTATION the rest of it is a cell.
-    private static final int CALL = 0; // parts
-    private static final int BRANCH = 1; // parts
-    private static final int SEQUENCE = 2; // parts
-    private static final int OTHER = 3; // lambda, setting or definition
-    private static final int CONSTANT = 4; // value
-    private static final int QUOTATION = 5; // value
+    // What a slot of code holds, by its lowest bits.
+    private static final int CALL = 0; // where its slots are
+    private static final int BRANCH = 1; // where its slots are
+    private static final int SEQUENCE = 2; // where its slots are
+    private static final int OTHER = 3; // where the node is
+    private static final int CONSTANT = 4; // cell
+    private static final int QUOTATION = 5; // cell
     private static final int LOCAL = 6; // place among the variables of its lambda, how many environments out
     private static final int GLOBAL = 7; // symbol
     private static final int TAG_MASK = 7;
     private static final int SLOT_SHIFT = 3;
     private static final int DEPTH_OUT_SHIFT = 14;
     private static final int PLACE_MASK = 2047;
+
+    // The nodes of code, by their first number.
+    private static final int LAMBDA = 1; // twice the parameters and 1 for a rest, the slots of the body
+    private static final int SET_LOCAL = 2; // variable, slot
+    private static final int SET_GLOBAL = 3; // symbol, slot
+    private static final int DEFINITION = 4; // symbol, slot
+    private static final int SYNTAX = 5; // symbol
+    private static final int QUOTE = 6; // where the first pair is
+    private static final int OFFSET_BITS = 21; // of a place in the code of a program, as far as cells hold it
+    private static final int OFFSET_MASK = (1 << 21) - 1;
 
     // The cells that are always there, in the order in which Store makes them.
     private static final int FIRST_SYMBOL_CELL = 1;
@@ -151,7 +154,7 @@ public final class WindwardScheme {
     // The heap: a cell is two words of a chunk, each with two of its fields; the head is kind, flags and note.
     private static final int CHUNK_BITS = 10;
     private static final int CHUNK_CELLS = 1024;
-    private static final int MAX_CHUNKS = 3100;
+    private static final int MAX_CHUNKS = 2900;
     private static final int MAX_CELLS = MAX_CHUNKS * CHUNK_CELLS;
     private static final long LOW_WORD = 0xFFFFFFFFL;
     private static final int KIND_MASK = 63;
@@ -169,7 +172,7 @@ public final class WindwardScheme {
     private static final int MAX_STEPS = 2000000000;
     private static final int MAX_LEVEL = 104;
     private static final int MAX_ROW = 163840;
-    private static final int MOST_STACKED = 400000;
+    private static final int MOST_STACKED = 600000;
 
     private final Store store;
     private final Writer writer;
@@ -180,13 +183,13 @@ public final class WindwardScheme {
     public WindwardScheme() {
         Heap heap = new Heap();
         Store laid = new Store(heap);
-        Values values = new Values(heap);
+        Values values = new Values(heap, laid);
         Variables variables = new Variables(heap, laid, values);
-        Body body = new Body(heap, values, variables);
+        Body body = new Body(heap, laid, values, variables);
         store = laid;
-        writer = new Writer(heap, values, body);
+        writer = new Writer(heap, laid, values, body);
         reader = new Reader();
-        expander = new Expander(heap, laid, values);
+        expander = new Expander(heap, laid);
         machine = new Machine(heap, values, variables, body);
     }
 
@@ -264,17 +267,20 @@ public final class WindwardScheme {
 
     public int write(int datum) throws IndexOutOfBoundsException, UnsupportedOperationException {
         needDatum(datum);
-        return needWritten(writer.putAll(false, store.cellOf(datum)));
+        writer.start(false, store.cellOf(datum));
+        writer.goOn();
+        return needWritten(writer.finish());
     }
 
     public int writeExpanded(int datum)
             throws IndexOutOfBoundsException, IllegalArgumentException, UnsupportedOperationException {
         needDatum(datum);
-        int program = expander.expand(store.cellOf(datum));
-        if (program == 0) {
+        if (!expander.expand(store.begunProgram(0, store.cellOf(datum)))) {
             throw new IllegalArgumentException("the program is wrong");
         }
-        return needWritten(writer.putAll(true, program));
+        writer.start(true, store.slotOf(0));
+        writer.goOn();
+        return needWritten(writer.finish());
     }
 
     public char charAt(int index) throws IndexOutOfBoundsException {
@@ -314,9 +320,10 @@ public final class WindwardScheme {
     public char begin(int datum) throws IndexOutOfBoundsException {
         needDatum(datum);
         machine.stop();
-        int program = expander.expand(store.cellOf(datum));
-        machine.count(Machine.EXPANSIONS, expander.used);
-        return machine.start(program, expander.letter);
+        int program = store.newProgram(store.cellOf(datum));
+        boolean isRight = program != 0 && expander.expand(program);
+        machine.count(Machine.EXPANSIONS, program == 0 ? 0 : expander.used);
+        return machine.start(program, isRight ? store.slotOf(program) : 0, program == 0 ? 'o' : expander.letter);
     }
 
     public char run(int fuel) throws IllegalStateException, IllegalArgumentException {
@@ -324,7 +331,13 @@ public final class WindwardScheme {
         if (fuel < 1 || fuel > MAX_FUEL) {
             throw new IllegalArgumentException("the number of applications is out of range");
         }
-        return machine.goOn(fuel);
+        machine.refuel(fuel);
+        int wanted = machine.goOn();
+        for (int i = 0; i < MAX_STEPS && wanted != 0; i++) {
+            machine.takeProgram(expander.expand(wanted));
+            wanted = machine.goOn();
+        }
+        return machine.stateNow();
     }
 
     public char state() throws IllegalStateException {
@@ -347,7 +360,13 @@ public final class WindwardScheme {
 
     public int writeValue() throws IllegalStateException, NoSuchElementException, UnsupportedOperationException {
         needValue();
-        return needWritten(writer.putAll(false, machine.result()));
+        writer.start(false, machine.result());
+        int wanted = writer.goOn();
+        for (int i = 0; i < MAX_STEPS && wanted != 0; i++) {
+            writer.takeProgram(expander.expand(wanted));
+            wanted = writer.goOn();
+        }
+        return needWritten(writer.finish());
     }
 
     public char error() throws IllegalStateException, NoSuchElementException {
@@ -375,7 +394,13 @@ public final class WindwardScheme {
         if (global == 0) {
             throw new NoSuchElementException("no global variable with a value");
         }
-        return needWritten(writer.putAll(false, global));
+        writer.start(false, global);
+        int wanted = writer.goOn();
+        for (int i = 0; i < MAX_STEPS && wanted != 0; i++) {
+            writer.takeProgram(expander.expand(wanted));
+            wanted = writer.goOn();
+        }
+        return needWritten(writer.finish());
     }
 
     public char meaning(int symbol) throws IllegalArgumentException {
@@ -540,8 +565,6 @@ public final class WindwardScheme {
         private int chunkCount;
         private final Row[] roots; // cells
         private int rootCount;
-        private final Row[] slotRoots; // slots of code
-        private int slotRootCount;
         private final Row[] weak; // cells that are forgotten if nothing else reaches them
         private int weakCount;
         private final Row shared;
@@ -561,7 +584,6 @@ public final class WindwardScheme {
         Heap() {
             chunks = new long[MAX_CHUNKS][];
             roots = new Row[MAX_ROOTS];
-            slotRoots = new Row[MAX_ROOTS];
             weak = new Row[MAX_ROOTS];
             due = MIN_DUE;
             shared = newWeakRow(SHARED);
@@ -574,15 +596,6 @@ public final class WindwardScheme {
             if (rootCount < roots.length) {
                 roots[rootCount] = row;
                 rootCount++;
-            }
-            return row;
-        }
-
-        Row newSlotRoots(int length, int most) {
-            Row row = new Row(length, most);
-            if (slotRootCount < slotRoots.length) {
-                slotRoots[slotRootCount] = row;
-                slotRootCount++;
             }
             return row;
         }
@@ -731,19 +744,19 @@ public final class WindwardScheme {
 
         /**
          * Whether the primitive 21 holds. Numbers are the same by what they are; closures and lists may be made again
-         * whenever they are looked for, so these are known by their stamps.
+         * whenever they are looked for, so these are known by all that they are, too.
          */
         boolean areSame(int one, int other) {
             if (one == other) {
                 return true;
             }
             int cellKind = kindOf(one);
-            if (kindOf(other) != cellKind || cellKind != NUMBER && cellKind != CLOSURE && cellKind != VIEW) {
-                return false;
-            }
-            boolean isClosure = cellKind == CLOSURE;
-            return at(one, 3) == at(other, 3)
-                    && (isClosure || at(one, 1) == at(other, 1) && at(one, 2) == at(other, 2));
+            boolean isMadeAgain = cellKind == NUMBER || cellKind == CLOSURE || cellKind == VIEW || cellKind == QUOTED;
+            return isMadeAgain
+                    && kindOf(other) == cellKind
+                    && at(one, 1) == at(other, 1)
+                    && at(one, 2) == at(other, 2)
+                    && at(one, 3) == at(other, 3);
         }
 
         private void collect() {
@@ -753,13 +766,6 @@ public final class WindwardScheme {
             for (int i = 0; i < rootCount && i < roots.length; i++) {
                 for (int j = 0; roots[i] != null && j < roots[i].used; j++) {
                     shade(roots[i].get(j));
-                }
-                scanStacked();
-            }
-            for (int i = 0; i < slotRootCount && i < slotRoots.length; i++) {
-                for (int j = 0; slotRoots[i] != null && j < slotRoots[i].used; j++) {
-                    int slot = slotRoots[i].get(j);
-                    shade((slot & TAG_MASK) <= QUOTATION ? slot >>> SLOT_SHIFT : 0);
                 }
                 scanStacked();
             }
@@ -815,10 +821,8 @@ public final class WindwardScheme {
                 }
                 for (int j = 0; j < 3; j++) {
                     int field = j == 0 ? 2 : j == 1 ? 1 : 3;
-                    int word = at(cell, field);
-                    boolean isSlot = (fields & 16 << field - 1) != 0 && (word & TAG_MASK) <= QUOTATION;
-                    if (isSlot || (fields & 1 << field - 1) != 0) {
-                        shade(isSlot ? word >>> SLOT_SHIFT : word);
+                    if ((fields & 1 << field - 1) != 0) {
+                        shade(at(cell, field));
                     }
                 }
             }
@@ -870,8 +874,24 @@ public final class WindwardScheme {
         }
     }
 
-    /** The laid data, the global variables, and what data are to one another. */
+    /**
+     * The laid data, what data are to one another, the global variables and macros, and the code of programs.
+     *
+     * <p>Of a program only its datum is kept, and what symbols meant when it was begun: its code, and the data that macros
+     * made in it, are an image, which is made anew when it is wanted and was given up for others. A place in an image is
+     * an offset; slots, each list of them with a 0 behind it, and nodes are what code is made of; a pair is two numbers,
+     * each of them twice a cell, or twice the offset of another pair and 1. Program 0 is one that is only written.
+     */
     private static final class Store {
+        private static final int MAX_PROGRAMS = 1000;
+        private static final int MAX_PAGES = 2400;
+        private static final int PAGE_WORDS = 256;
+        private static final int PAGE_BITS = 9;
+        private static final int PAGE_MASK = 511;
+        private static final int MEANING_SHIFT = 6;
+        private static final int FEW = 8;
+        private static final int FEW_PAGES = 64;
+
         private final Heap heap;
         private final int[] cells;
         private final int[] firsts;
@@ -879,9 +899,31 @@ public final class WindwardScheme {
         int count;
         private final int[] meanings;
         private final Row contents; // values of global variables, literals and rules of macros
+        // What symbols mean that may be a keyword or macro: the newest one of a chain; and the rules in the newest program.
+        private final Row newest;
+        private int programs;
+        private final Row programData;
+        private final Row programMeanings;
+        private final Row programSlots;
+        private int[][] tables; // for each program how many pages its image has, and these
+        private long[][] pages;
+        private int pageCount;
+        private final Row freePages;
+        private int open; // the program whose image is made
+        private int end;
+        private int mostPages; // that are held if there is no need of more
 
         Store(Heap heap) {
             this.heap = heap;
+            newest = heap.newRoots(2, 2);
+            programData = new Row(16, MAX_PROGRAMS);
+            programMeanings = heap.newRoots(16, MAX_PROGRAMS);
+            programSlots = new Row(16, MAX_PROGRAMS);
+            tables = new int[FEW][];
+            pages = new long[FEW][];
+            freePages = new Row(16, MAX_PAGES);
+            freePages.used = 0;
+            mostPages = FEW_PAGES;
             cells = new int[MAX_DATA];
             firsts = new int[MAX_DATA];
             rests = new int[MAX_DATA];
@@ -981,6 +1023,7 @@ public final class WindwardScheme {
                     return 'e';
                 case PAIR:
                 case VIEW:
+                case QUOTED:
                     return 'p';
                 case CLOSURE:
                     return 'c';
@@ -1164,17 +1207,215 @@ public final class WindwardScheme {
             return meaningOf(symbol) == VARIABLE ? contents.get(symbol) : 0;
         }
 
-        /** The literals and rules of a macro; 0 if it is none. */
-        int rulesOf(int symbol) {
-            return meaningOf(symbol) == MACRO ? contents.get(symbol) : 0;
-        }
-
         void define(int symbol, int newMeaning, int content) {
             if (symbol < 0 || symbol >= meanings.length) {
                 return;
             }
+            if (newMeaning == MACRO || meanings[symbol] == MACRO || meanings[symbol] == KEYWORD) {
+                int rules = newMeaning == MACRO ? content : 0;
+                newest.put(0, heap.make(MEANING, newMeaning << MEANING_SHIFT | symbol, rules, newest.get(0), 0));
+            }
             meanings[symbol] = newMeaning;
             contents.put(symbol, content);
+        }
+
+        // ---- programs
+
+        /** The number of a new program; 0 if there is none left. */
+        int newProgram(int datum) {
+            if (programs >= MAX_PROGRAMS - 1) {
+                return 0;
+            }
+            programs++;
+            return begunProgram(programs, datum);
+        }
+
+        /** Lets a number be that of a program that begins now. */
+        int begunProgram(int program, int datum) {
+            programData.put(program, datum);
+            programMeanings.put(program, newest.get(0));
+            programMeanings.used = Math.max(programMeanings.used, program + 1);
+            return program;
+        }
+
+        int datumOf(int program) {
+            return programData.get(program);
+        }
+
+        int slotOf(int program) {
+            return programSlots.get(program);
+        }
+
+        /** The literals and rules that the newest program defines. */
+        int newRules() {
+            return newest.get(1);
+        }
+
+        void setNewRules(int program, int rules) {
+            if (program == programs) {
+                newest.put(1, rules);
+            }
+        }
+
+        /** Lets rows be what symbols meant when a program began, and the rules of macros then. */
+        void recallMeanings(int program, Row meaningsThen, Row rulesThen) {
+            for (int symbol = 0; symbol < SYMBOLS; symbol++) {
+                meaningsThen.put(symbol, symbol <= SYNTAX_SYMBOL ? KEYWORD : UNKNOWN);
+                rulesThen.put(symbol, 0);
+            }
+            long seen = 0;
+            int version = programMeanings.get(program);
+            for (int i = 0; i < MAX_STEPS && version != 0; i++) {
+                int symbol = heap.noteOf(version) & (1 << MEANING_SHIFT) - 1;
+                if ((seen >> symbol & 1) == 0) {
+                    meaningsThen.put(symbol, heap.noteOf(version) >> MEANING_SHIFT);
+                    rulesThen.put(symbol, heap.at(version, ITEM));
+                }
+                seen |= 1L << symbol;
+                version = heap.at(version, NEXT);
+            }
+        }
+
+        boolean isLoaded(int program) {
+            return program >= 0
+                    && program < tables.length
+                    && tables[program] != null
+                    && tables[program].length > 0
+                    && tables[program][0] > 0;
+        }
+
+        /** A number of the image of a program. */
+        int word(int program, int offset) {
+            if (program < 0 || program >= tables.length || tables[program] == null) {
+                return 0;
+            }
+            int[] table = tables[program];
+            int place = offset >> PAGE_BITS;
+            int at = (offset & PAGE_MASK) >> 1;
+            if (place < 0 || place + 1 >= table.length || place >= table[0]) {
+                return 0;
+            }
+            int page = table[place + 1];
+            if (page < 0 || page >= pages.length || pages[page] == null || at >= pages[page].length) {
+                return 0;
+            }
+            return (int) (pages[page][at] >>> ((offset & 1) << 5));
+        }
+
+        /** Begins to make the image of a program. If there was one that was given up, more of them are to be held. */
+        void openImage(int program) {
+            boolean isAgain = program != 0 && programSlots.get(program) != 0;
+            mostPages = isAgain ? Math.min(MAX_PAGES, 2 * mostPages) : mostPages;
+            if (program >= tables.length && program < MAX_PROGRAMS) {
+                int[][] more = new int[Math.min(MAX_PROGRAMS, 4 * program)][];
+                for (int i = 0; i < tables.length; i++) {
+                    more[i] = tables[i];
+                }
+                tables = more;
+            }
+            open = program;
+            end = 1;
+            if (program >= 0 && program < tables.length && tables[program] == null) {
+                tables[program] = new int[FEW];
+            }
+            dropImage(program);
+            programSlots.put(program, 0);
+        }
+
+        /** Ends it, with the slot of the program; 0 if it is wrong. */
+        void closeImage(int slot) {
+            programSlots.put(open, slot);
+            if (slot == 0) {
+                dropImage(open);
+            } else if (end == 1) {
+                emit(0);
+            }
+        }
+
+        int endOfImage() {
+            return end;
+        }
+
+        /** Puts a number behind the image that is made; where it is. */
+        int emit(int number) {
+            int offset = end;
+            int place = offset >> PAGE_BITS;
+            if (place >= countOfPages(open)) {
+                addPage();
+            }
+            boolean isThere = place >= 0 && place < countOfPages(open) && place + 1 < tables[open].length;
+            int page = isThere ? tables[open][place + 1] : -1;
+            int at = (offset & PAGE_MASK) >> 1;
+            if (page >= 0 && page < pages.length && pages[page] != null && at < pages[page].length) {
+                long old = pages[page][at];
+                boolean isLow = (offset & 1) == 0;
+                pages[page][at] = isLow ? old & ~LOW_WORD | number & LOW_WORD : old & LOW_WORD | (long) number << 32;
+            }
+            end++;
+            return offset;
+        }
+
+        private int countOfPages(int program) {
+            boolean isThere = program >= 0 && program < tables.length && tables[program] != null;
+            return isThere && tables[program].length > 0 ? tables[program][0] : 0;
+        }
+
+        /** Puts a free page behind the image that is made. */
+        private void addPage() {
+            int count = countOfPages(open) + 1;
+            if (freePages.used == 0 || open >= tables.length || tables[open] == null) {
+                return;
+            }
+            if (count >= tables[open].length) {
+                int[] more = new int[4 * count];
+                System.arraycopy(tables[open], 0, more, 0, tables[open].length);
+                tables[open] = more;
+            }
+            freePages.used--;
+            tables[open][0] = count;
+            tables[open][count] = freePages.get(freePages.used);
+        }
+
+        /** Lets there be some free pages, if that can be; other images may be given up for them, the largest one first. */
+        boolean hasPages(int needed) {
+            int most = Math.min(MAX_PAGES, mostPages + countOfPages(open));
+            for (int i = 0; i < MAX_PROGRAMS && freePages.used < needed && pageCount + needed > most; i++) {
+                int largest = 0;
+                for (int j = 1; j < tables.length; j++) {
+                    largest = j != open && countOfPages(j) > countOfPages(largest) || largest == open ? j : largest;
+                }
+                if (largest == open || countOfPages(largest) == 0) {
+                    break;
+                }
+                dropImage(largest);
+            }
+            for (int i = 0; i < needed && freePages.used < needed && pageCount < MAX_PAGES; i++) {
+                makePage();
+            }
+            return freePages.used >= needed;
+        }
+
+        private void makePage() {
+            if (pageCount >= pages.length) {
+                long[][] more = new long[Math.min(MAX_PAGES, 4 * pageCount)][];
+                for (int i = 0; i < pages.length; i++) {
+                    more[i] = pages[i];
+                }
+                pages = more;
+            }
+            pages[pageCount] = new long[PAGE_WORDS];
+            freePages.add(pageCount);
+            pageCount++;
+        }
+
+        private void dropImage(int program) {
+            int count = countOfPages(program);
+            for (int i = 1; i <= count && i < tables[program].length; i++) {
+                freePages.add(tables[program][i]);
+            }
+            if (count > 0) {
+                tables[program][0] = 0;
+            }
         }
     }
 
@@ -1188,13 +1429,13 @@ public final class WindwardScheme {
         private static final int FORMS = 3;
         private static final int CLOSE = 4;
         private static final int UNBIND = 5;
-        private static final int JOB_MASK = 7;
         private static final int MAX_JOBS = 2048;
         private static final int MOST_MADE = 64;
 
         private final Heap heap;
         private final Values values;
         private final Body body;
+        private final Store store;
         private final char[] text;
         int length;
         private final char[] draft;
@@ -1206,8 +1447,9 @@ public final class WindwardScheme {
         private int bindersAround;
         private int variables;
 
-        Writer(Heap heap, Values values, Body body) {
+        Writer(Heap heap, Store store, Values values, Body body) {
             this.heap = heap;
+            this.store = store;
             this.values = values;
             this.body = body;
             text = new char[MAX_TEXT];
@@ -1235,24 +1477,34 @@ public final class WindwardScheme {
             return before;
         }
 
-        /** Writes a datum, or the slot of a program: the length of the text; -1 if it would be too long. */
-        int putAll(boolean isProgram, int subject) {
+        /** Begins to write a datum, or the slot of program 0. */
+        void start(boolean isProgram, int subject) {
             drafted = 0;
             waiting = 0;
             bindersAround = 0;
             variables = 0;
-            later(isProgram ? FORM : DATUM, subject, 0);
+            later(isProgram ? FORM : DATUM, subject);
+        }
+
+        /** Goes on with writing; the number of a program that must be expanded for it first, or 0 at the end. */
+        int goOn() {
             boolean isRight = true;
-            for (int i = 0; i < MAX_CELLS && isRight && waiting > 0 && drafted <= MAX_TEXT; i++) {
+            for (int i = 0; i < MAX_STEPS && isRight && waiting > 0 && drafted <= MAX_TEXT; i++) {
                 subjects.used = waiting;
                 if (heap.freeCells < MOST_MADE) {
                     heap.makeRoom(MOST_MADE, 0);
                 }
+                if (values.wanted < 0) {
+                    return -values.wanted;
+                }
+                if (values.wanted > 0 || body.isRecalling()) {
+                    isRight = body.recall(0);
+                    continue;
+                }
                 waiting--;
                 int job = waiting;
                 int next = subjects.get(waiting);
-                int index = jobs.get(waiting) / (JOB_MASK + 1);
-                switch (jobs.get(waiting) & JOB_MASK) {
+                switch (jobs.get(waiting)) {
                     case DATUM:
                         startDatum(next);
                         break;
@@ -1263,7 +1515,7 @@ public final class WindwardScheme {
                         startForm(next);
                         break;
                     case FORMS:
-                        putForms(next, index);
+                        putForms(next);
                         break;
                     case CLOSE:
                         put(')');
@@ -1271,14 +1523,27 @@ public final class WindwardScheme {
                     default:
                         bindersAround--;
                 }
-                if (values.wanted != 0) {
-                    // The part is put when it is there.
-                    waiting = job + 1;
-                    isRight = body.recall(0);
-                }
+                // A part that is not there yet is put when it is.
+                waiting = values.wanted == 0 ? waiting : job + 1;
             }
+            drafted = isRight ? drafted : MAX_TEXT + 1;
+            return 0;
+        }
+
+        /** Goes on behind the expansion of a program, which may have found no room. */
+        void takeProgram(boolean isThere) {
+            values.wanted = 0;
+            if (!isThere) {
+                body.dropTasks();
+                waiting = 0;
+                drafted = MAX_TEXT + 1;
+            }
+        }
+
+        /** Ends with writing: the length of the text; -1 if it would be too long. */
+        int finish() {
             subjects.used = 0;
-            if (drafted > MAX_TEXT || !isRight) {
+            if (drafted > MAX_TEXT) {
                 return -1;
             }
             System.arraycopy(draft, 0, text, 0, drafted);
@@ -1286,8 +1551,8 @@ public final class WindwardScheme {
             return length;
         }
 
-        private void later(int job, int subject, int index) {
-            jobs.put(waiting, job + index * (JOB_MASK + 1));
+        private void later(int job, int subject) {
+            jobs.put(waiting, job);
             subjects.put(waiting, subject);
             waiting++;
         }
@@ -1346,6 +1611,7 @@ public final class WindwardScheme {
                     break;
                 case PAIR:
                 case VIEW:
+                case QUOTED:
                     putPart('(', cell);
                     break;
                 case CLOSURE:
@@ -1366,10 +1632,11 @@ public final class WindwardScheme {
         /** Puts the first part of a pair behind a sign; if an episode is wanted for it, nothing is done. */
         private void putPart(char sign, int pair) {
             int part = values.firstOf(pair);
-            if (part != 0) {
+            int rest = part == 0 ? 0 : values.restOf(pair);
+            if (rest != 0) {
                 put(sign);
-                later(TAIL, values.restOf(pair), 0);
-                later(DATUM, part, 0);
+                later(TAIL, rest);
+                later(DATUM, part);
             }
         }
 
@@ -1377,28 +1644,24 @@ public final class WindwardScheme {
             int cellKind = heap.kindOf(cell);
             if (cellKind == EMPTY) {
                 put(')');
-            } else if (cellKind == PAIR || cellKind == VIEW) {
+            } else if (values.isPair(cell)) {
                 putPart(' ', cell);
             } else {
                 putWord(" . ");
-                later(CLOSE, 0, 0);
-                later(DATUM, cell, 0);
+                later(CLOSE, 0);
+                later(DATUM, cell);
             }
         }
 
-        private void putForms(int parts, int index) {
-            int slot = heap.at(parts, index + 1);
+        private void putForms(int offset) {
+            int slot = store.word(0, offset);
             if (slot == 0) {
                 put(')');
             } else {
                 put(' ');
-                laterForms(parts, index + 1);
-                later(FORM, slot, 0);
+                later(FORMS, offset + 1);
+                later(FORM, slot);
             }
-        }
-
-        private void laterForms(int parts, int index) {
-            later(FORMS, index < 3 ? parts : heap.noteOf(parts), index % 3);
         }
 
         private void startForm(int slot) {
@@ -1406,24 +1669,22 @@ public final class WindwardScheme {
             switch (slot & TAG_MASK) {
                 case CALL:
                     put('(');
-                    laterForms(content, 1);
-                    later(FORM, heap.at(content, 1), 0);
+                    later(FORMS, content + 1);
+                    later(FORM, store.word(0, content));
                     break;
                 case BRANCH:
                     putWord("(if");
-                    laterForms(content, 0);
+                    later(FORMS, content);
                     break;
                 case SEQUENCE:
                     putWord("(begin");
-                    laterForms(content, 0);
+                    later(FORMS, content);
                     break;
                 case CONSTANT:
-                    later(DATUM, content, 0);
+                    later(DATUM, content);
                     break;
                 case QUOTATION:
-                    putWord("(quote ");
-                    later(CLOSE, 0, 0);
-                    later(DATUM, content, 0);
+                    startQuote(content);
                     break;
                 case LOCAL:
                     putVariable(slot);
@@ -1436,18 +1697,27 @@ public final class WindwardScheme {
             }
         }
 
+        private void startQuote(int datum) {
+            putWord("(quote ");
+            later(CLOSE, 0);
+            later(DATUM, datum);
+        }
+
         private void putVariable(int slot) {
             int first = binders.get(bindersAround - 1 - (slot >>> DEPTH_OUT_SHIFT));
             putNamed('x', first + (slot >> SLOT_SHIFT & PLACE_MASK));
         }
 
-        private void startOther(int cell) {
-            int info = heap.at(cell, ITEM);
-            switch (heap.kindOf(cell)) {
+        private void startOther(int node) {
+            int info = store.word(0, node + 1);
+            switch (store.word(0, node)) {
                 case LAMBDA:
                     putWord("(lambda ");
                     startLambda(info >> 1, (info & 1) != 0);
-                    laterForms(heap.at(cell, NEXT), 0);
+                    later(FORMS, node + 2);
+                    return;
+                case QUOTE:
+                    startQuote(heap.make(QUOTED, 0, info, 0, 0));
                     return;
                 case SET_LOCAL:
                     putWord("(set ");
@@ -1468,8 +1738,8 @@ public final class WindwardScheme {
                     return;
             }
             put(' ');
-            later(CLOSE, 0, 0);
-            later(FORM, heap.at(cell, NEXT), 0);
+            later(CLOSE, 0);
+            later(FORM, store.word(0, node + 2));
         }
 
         /** Writes the parameters of a lambda, which are bound up to the end of its body. */
@@ -1480,7 +1750,7 @@ public final class WindwardScheme {
             if (bound > 0) {
                 binders.put(bindersAround, first);
                 bindersAround++;
-                later(UNBIND, 0, 0);
+                later(UNBIND, 0);
             }
             if (parameters == 0 && hasRest) {
                 putNamed('x', first);
@@ -2021,19 +2291,22 @@ public final class WindwardScheme {
         }
     }
 
-    /** Makes code of programs. The forms that are around the one at hand are a stack, one level for each. */
+    /** Makes the images of programs. The forms that are around the one at hand are a stack, one level for each. */
     private static final class Expander {
         private static final int LEVELS = 104;
         private static final int WHOLE = 0;
+        private static final int MOST_PAGES = 8; // that a form takes
         private static final int OPENED = -1; // in place of a slot, as long as its parts are still to be expanded
 
         private final Heap heap;
         private final Store store;
-        private final Values values;
         private final Macros macros;
+        // What symbols meant when the program began.
+        private final Row meanings;
+        private final Row rules;
         // For each level: the forms that are still to be expanded, the names that are bound there, what came out of a
-        // macro in place of the form at hand; what the forms belong to: the tag of a slot or the kind of a cell, a field
-        // of that cell, and where their slots begin.
+        // macro in place of the form at hand; what the forms belong to: the tag of a slot, and a kind of node with what it
+        // has ahead of its slots; and where their slots begin.
         private final Row lists;
         private final Row scopes;
         private final Row outcomes;
@@ -2042,33 +2315,37 @@ public final class WindwardScheme {
         private final Row starts;
         private int level;
         private final Row slots;
+        private int program;
         private int anew; // pairs of a datum that were made anew
-        private int anewCount;
         int used;
         char letter; // what was wrong
 
-        Expander(Heap heap, Store store, Values values) {
+        Expander(Heap heap, Store store) {
             this.heap = heap;
             this.store = store;
-            this.values = values;
             macros = new Macros(heap, store);
+            meanings = new Row(SYMBOLS, SYMBOLS);
+            rules = heap.newRoots(SYMBOLS, SYMBOLS);
             lists = heap.newRoots(LEVELS, LEVELS);
             scopes = heap.newRoots(LEVELS, LEVELS);
             outcomes = heap.newRoots(LEVELS, LEVELS);
             kinds = new Row(LEVELS, LEVELS);
             infos = new Row(LEVELS, LEVELS);
             starts = new Row(LEVELS, LEVELS);
-            slots = heap.newSlotRoots(16, MAX_ROW);
+            slots = new Row(16, MAX_ROW);
         }
 
-        /** The slot of a program; 0 if it is wrong. Then used tells how many expansions of macros there were. */
-        int expand(int program) {
+        /** Makes the image of a program; whether it is right. Then used tells how many expansions of macros there were. */
+        boolean expand(int number) {
+            program = number;
+            store.recallMeanings(program, meanings, rules);
+            store.openImage(program);
             used = 0;
             letter = 'x';
             level = -1;
             slots.used = 0;
             openLevel(WHOLE, 0, EMPTY_CELL, 0);
-            outcomes.put(0, program);
+            outcomes.put(0, store.datumOf(program));
             boolean isRight = true;
             for (int i = 0; i < MAX_STEPS && isRight && level >= 0; i++) {
                 int form = nextForm();
@@ -2078,8 +2355,8 @@ public final class WindwardScheme {
                 int symbol = keywordOrMacro(form);
                 if (isRight && form == 0) {
                     closeLevel();
-                } else if (isRight && store.meaningOf(symbol) == MACRO) {
-                    int rule = macros.fittingRule(store.rulesOf(symbol), form, scopes.get(level));
+                } else if (isRight && meanings.get(symbol) == MACRO) {
+                    int rule = macros.fittingRule(rules.get(symbol), form, scopes.get(level));
                     outcomes.put(level, form);
                     isRight = rule != 0 && used < MAX_EXPANSIONS && makeRoom(SLACK + 2 * cellsFor(rule));
                     used += isRight ? 1 : 0;
@@ -2096,9 +2373,9 @@ public final class WindwardScheme {
             lists.fillWithZeros();
             scopes.fillWithZeros();
             outcomes.fillWithZeros();
-            // The code of the program stays until another one is expanded.
-            slots.used = isRight ? 1 : 0;
-            return isRight ? slots.get(0) : 0;
+            rules.fillWithZeros();
+            store.closeImage(isRight ? slots.get(0) : 0);
+            return isRight;
         }
 
         /** As many cells as the variables of a rule are bound in at once: again below each ellipsis around. */
@@ -2108,7 +2385,7 @@ public final class WindwardScheme {
         }
 
         private boolean makeRoom(int cells) {
-            if (heap.freeCells < cells && !heap.makeRoom(cells, RESERVE / 2)) {
+            if (heap.freeCells < cells && !heap.makeRoom(cells, RESERVE / 2) || !store.hasPages(MOST_PAGES)) {
                 letter = 'o';
             }
             return letter == 'x';
@@ -2129,31 +2406,21 @@ public final class WindwardScheme {
             int kind = kinds.get(level);
             int first = starts.get(level);
             if (level > 0) {
-                int slot;
-                if (kind == CALL || kind == BRANCH || kind == SEQUENCE) {
-                    slot = kind | partsFrom(first) << SLOT_SHIFT;
-                } else {
-                    int inner = kind == LAMBDA ? partsFrom(first) : slots.get(first);
-                    slot = OTHER | heap.makeShared(kind, 0, infos.get(level), inner, 0) << SLOT_SHIFT;
+                int place = store.endOfImage();
+                if ((kind & TAG_MASK) == OTHER) {
+                    store.emit(kind >> SLOT_SHIFT);
+                    store.emit(infos.get(level));
                 }
+                for (int i = first; i < slots.used; i++) {
+                    store.emit(slots.get(i));
+                }
+                store.emit(0);
                 slots.used = first;
-                slots.add(slot);
+                slots.add(kind & TAG_MASK | place << SLOT_SHIFT);
             }
             lists.put(level, 0);
             scopes.put(level, 0);
             level--;
-        }
-
-        /** The slots from one on, in cells of three. */
-        private int partsFrom(int first) {
-            int parts = 0;
-            for (int i = (slots.used - first + 2) / 3 * 3 - 3; i >= 0; i -= 3) {
-                int at = first + i;
-                int other = at + 1 < slots.used ? slots.get(at + 1) : 0;
-                int third = at + 2 < slots.used ? slots.get(at + 2) : 0;
-                parts = heap.makeShared(PARTS, parts, slots.get(at), other, third);
-            }
-            return parts;
         }
 
         /** The next form of the level; 0 if there is none. */
@@ -2178,7 +2445,7 @@ public final class WindwardScheme {
             }
             int head = heap.at(form, FIRST);
             int symbol = store.find(head, scopes.get(level)) == 0 ? store.symbolOf(head) : -1;
-            int meaning = store.meaningOf(symbol);
+            int meaning = meanings.get(symbol);
             return meaning == KEYWORD || meaning == MACRO ? symbol : -1;
         }
 
@@ -2208,7 +2475,7 @@ public final class WindwardScheme {
                 return LOCAL | heap.noteOf(bound) >> 1 << SLOT_SHIFT | depth << DEPTH_OUT_SHIFT;
             }
             int symbol = store.symbolOf(name);
-            int meaning = store.meaningOf(symbol);
+            int meaning = meanings.get(symbol);
             return meaning == KEYWORD || meaning == MACRO ? 0 : GLOBAL | symbol << SLOT_SHIFT;
         }
 
@@ -2230,14 +2497,14 @@ public final class WindwardScheme {
             boolean isWhole = level == 0;
             switch (keyword) {
                 case QUOTE_SYMBOL:
-                    return count == 1 ? QUOTATION | withoutMarks(first) << SLOT_SHIFT : 0;
+                    return count == 1 ? quoteForm(first) : 0;
                 case IF_SYMBOL:
                     return count == 2 || count == 3 ? around(BRANCH, 0, parts, scope) : 0;
                 case LAMBDA_SYMBOL:
                     return count >= 2 ? lambdaForm(first, behind) : 0;
                 case DEFINE_SYMBOL:
                     return count == 2 && isWhole && store.isName(first)
-                            ? around(DEFINITION, store.symbolOf(first), behind, scope)
+                            ? around(nodeOf(DEFINITION), store.symbolOf(first), behind, scope)
                             : 0;
                 case SET_SYMBOL:
                     return count == 2 && store.isName(first) ? setForm(variable(first), behind) : 0;
@@ -2245,9 +2512,21 @@ public final class WindwardScheme {
                     return count >= 1 ? around(SEQUENCE, 0, parts, scope) : 0;
                 default:
                     return count >= 2 && isWhole && store.isName(first) && macros.areRules(behind)
-                            ? OTHER | heap.makeShared(SYNTAX, 0, store.symbolOf(first), behind, 0) << SLOT_SHIFT
+                            ? syntaxForm(store.symbolOf(first), behind)
                             : 0;
             }
+        }
+
+        /** What a level is for a kind of node. */
+        private static int nodeOf(int kind) {
+            return OTHER | kind << SLOT_SHIFT;
+        }
+
+        private int syntaxForm(int symbol, int definition) {
+            store.setNewRules(program, definition);
+            int place = store.emit(SYNTAX);
+            store.emit(symbol);
+            return OTHER | place << SLOT_SHIFT;
         }
 
         private int setForm(int variable, int forms) {
@@ -2256,8 +2535,8 @@ public final class WindwardScheme {
             }
             boolean isLocal = (variable & TAG_MASK) == LOCAL;
             return isLocal
-                    ? around(SET_LOCAL, variable, forms, scopes.get(level))
-                    : around(SET_GLOBAL, variable >>> SLOT_SHIFT, forms, scopes.get(level));
+                    ? around(nodeOf(SET_LOCAL), variable, forms, scopes.get(level))
+                    : around(nodeOf(SET_GLOBAL), variable >>> SLOT_SHIFT, forms, scopes.get(level));
         }
 
         private int lambdaForm(int parameters, int body) {
@@ -2283,50 +2562,60 @@ public final class WindwardScheme {
                 scope = heap.make(SCOPE, i << 1 | (scope == outer ? 1 : 0), heap.at(names, ITEM), scope, 0);
                 names = heap.at(names, NEXT);
             }
-            return around(LAMBDA, count << 1 | (hasRest ? 1 : 0), body, scope);
+            return around(nodeOf(LAMBDA), count << 1 | (hasRest ? 1 : 0), body, scope);
         }
 
-        /** A quoted datum with all marks taken off; each pair with a mark in it is made anew once. */
-        private int withoutMarks(int datum) {
+        /** The slot of a quoted datum with all marks taken off; each pair with a mark in it is made anew once. */
+        private int quoteForm(int datum) {
             anew = 0;
-            anewCount = 0;
             int plain = plainOf(datum, 0);
             for (int i = 0; i < MAX_SIZE && anew != 0; i++) {
                 heap.setNote(heap.at(anew, ITEM), 0);
                 anew = heap.at(anew, NEXT);
             }
-            return heap.kindOf(plain) == COPIED ? values.madeAnew(plain) : plain;
+            if ((plain & 1) == 0) {
+                return QUOTATION | plain >>> 1 << SLOT_SHIFT;
+            }
+            int place = store.emit(QUOTE);
+            store.emit(plain >>> 1);
+            return OTHER | place << SLOT_SHIFT;
         }
 
-        // A pair that has been made anew bears, until the form is done, a note of the new one. By its number each of them
-        // differs from the others of its datum, while like data of other forms are made of the same cells.
+        /**
+         * A datum in the image: twice a cell, or twice the offset of a pair and 1. A pair that was laid stays as it is; one
+         * that a macro made is put into the image, and bears a note of where it is: up to the end of the form if there are
+         * marks in it, otherwise up to the end of the program.
+         */
         private int plainOf(int datum, int depth) {
             int pairs = 0;
             int cell = datum;
-            for (int i = 0; i < MAX_SIZE && isToBeMadeAnew(cell); i++) {
+            for (int i = 0; i < MAX_SIZE && isToBePut(cell); i++) {
                 pairs = heap.make(LINK, 0, cell, pairs, 0);
                 cell = heap.at(cell, REST);
             }
-            int plain = heap.kindOf(cell) == RENAMED ? FIRST_SYMBOL_CELL + store.symbolOf(cell) : cell;
-            if (heap.kindOf(cell) == PAIR && heap.noteOf(cell) != 0) {
-                plain = heap.noteOf(cell);
+            int plain = cell << 1;
+            if (heap.kindOf(cell) == RENAMED) {
+                plain = FIRST_SYMBOL_CELL + store.symbolOf(cell) << 1;
+            } else if (heap.kindOf(cell) == PAIR && heap.noteOf(cell) != 0) {
+                plain = heap.noteOf(cell) << 1 | 1;
             }
             for (int i = 0; i < MAX_SIZE && pairs != 0 && depth <= MAX_LEVEL; i++) {
                 int old = heap.at(pairs, ITEM);
                 int first = plainOf(heap.at(old, FIRST), depth + 1);
-                plain = heap.makeShared(COPIED, anewCount, first, plain, 0);
-                anewCount++;
-                heap.setNote(old, plain);
-                anew = heap.make(LINK, 0, old, anew, 0);
+                int place = store.emit(first);
+                store.emit(plain);
+                plain = place << 1 | 1;
+                heap.setNote(old, place);
+                if ((heap.at(old, MEASURE) & RENAMED_INSIDE) != 0) {
+                    anew = heap.make(LINK, 0, old, anew, 0);
+                }
                 pairs = heap.at(pairs, NEXT);
             }
             return plain;
         }
 
-        private boolean isToBeMadeAnew(int cell) {
-            return heap.kindOf(cell) == PAIR
-                    && (heap.at(cell, MEASURE) & RENAMED_INSIDE) != 0
-                    && heap.noteOf(cell) == 0;
+        private boolean isToBePut(int cell) {
+            return heap.kindOf(cell) == PAIR && (heap.at(cell, HEAD) & KEPT) == 0 && heap.noteOf(cell) == 0;
         }
     }
 
@@ -2350,12 +2639,12 @@ public final class WindwardScheme {
         private static final int SKIP_MASK = 262143;
         private static final int DEPTH_BITS = 18;
         private static final int KEYS = 1024;
-        private static final int KEYS_SHIFT = 24;
-        private static final int WAYS = 4;
+        private static final int KEYS_SHIFT = 25;
+        private static final int WAYS = 8;
         private static final int RING = 4096;
         private static final int MAX_RING = 262144;
         private static final int HEADER = 2;
-        private static final int LARGE_PART = 16;
+        private static final int MOST_AT_ONCE = 128; // episodes that may be looked at by turns
         private static final int MAX_PLACE = 1 << 30;
         private static final int NO_LENGTH = -1;
         private static final int UNKNOWN_LENGTH = -2;
@@ -2363,17 +2652,21 @@ public final class WindwardScheme {
         static final int NONE = -1;
 
         private final Heap heap;
+        private final Store store;
         int stamps;
-        int wanted; // an episode that must be evaluated again, before a value that was looked for is there; or 0
+        // What must be made again, before a value that was looked for is there: an episode, a row that is to be put into the
+        // ring, minus the number of a program; or 0.
+        int wanted;
         // The ring: for a cell the numbers of its values and of places for settings, as negative ones, the values, the settings.
         private final Row ring;
         private int ringSize;
         private int ringEnd;
+        private int largest; // of what was kept there
         private final Row keys;
         private final Row spots;
         private final Row gathered;
         // The body at hand: the row that is below its values, and for each episode of it at what height its values begin,
-        // where it began, the value it went on with, its stamp, its cell if there is one; and the slot of the body.
+        // where it began, the value it went on with, its stamp, its cell if there is one; program and slot of the body.
         private final Row base;
         private final Row begins;
         private final Row paths;
@@ -2383,8 +2676,9 @@ public final class WindwardScheme {
         private final Row begun;
         final Row stack;
 
-        Values(Heap heap) {
+        Values(Heap heap, Store store) {
             this.heap = heap;
+            this.store = store;
             ring = heap.newRoots(16, MAX_RING);
             ringSize = RING;
             keys = heap.newWeakRow(KEYS);
@@ -2396,7 +2690,7 @@ public final class WindwardScheme {
             gifts = heap.newRoots(16, MAX_ROW);
             times = new Row(16, MAX_ROW);
             episodes = heap.newRoots(16, MAX_ROW);
-            begun = heap.newSlotRoots(1, 1);
+            begun = new Row(2, 2);
             stack = heap.newRoots(16, MOST_STACKED);
             stack.used = 0;
             forgetBody();
@@ -2442,10 +2736,16 @@ public final class WindwardScheme {
             return place;
         }
 
+        /** How many episodes have a place in the ring at once, however large they are. */
+        int mostAtOnce() {
+            return MAX_RING / Math.max(1, largest);
+        }
+
         /** Makes a place in the ring for so many numbers of a cell; -1 if they are too many. */
         private int reserve(int key, int size) {
-            if (ringSize < MAX_RING && ringSize < LARGE_PART * size || ringEnd > MAX_PLACE) {
-                for (int i = 0; i < MAX_LEVEL && ringSize < MAX_RING && ringSize < LARGE_PART * size; i++) {
+            largest = Math.max(largest, size);
+            if (ringSize < MAX_RING && ringSize < MOST_AT_ONCE * size || ringEnd > MAX_PLACE) {
+                for (int i = 0; i < MAX_LEVEL && ringSize < MAX_RING && ringSize < MOST_AT_ONCE * size; i++) {
                     ringSize *= 4;
                 }
                 ringEnd = 0;
@@ -2563,11 +2863,10 @@ public final class WindwardScheme {
                             break;
                         }
                         int tail = tailOf(first < 0 ? heap.at(node, ITEM) : ringAt(first + HEADER + ahead), at - ahead);
-                        boolean isView = heap.kindOf(tail) == VIEW;
-                        node = isView ? heap.at(tail, ITEM) : tail;
-                        at = isView ? heap.at(tail, NEXT) : 0;
-                        if (!isRow(node)) {
-                            return partOf(node, at);
+                        node = heap.at(tail, ITEM);
+                        at = heap.at(tail, NEXT);
+                        if (heap.kindOf(tail) != VIEW || !isRow(node)) {
+                            return tail == 0 ? 0 : partOf(tail);
                         }
                         break;
                     default:
@@ -2676,12 +2975,11 @@ public final class WindwardScheme {
             times.used = 0;
             episodes.used = 0;
             base.used = 0;
-            begun.used = 0;
         }
 
-        void beginBody(int slot) {
-            begun.put(0, slot);
-            begun.used = 1;
+        void beginBody(int program, int slot) {
+            begun.put(0, program);
+            begun.put(1, slot);
             beginEpisode(0, 0, 0);
         }
 
@@ -2740,7 +3038,7 @@ public final class WindwardScheme {
                 int path = paths.get(index);
                 int stamp = times.get(index);
                 episode = path == 0
-                        ? heap.make(BEGUN, 0, begun.get(0), environment, stamp)
+                        ? heap.make(BEGUN, begun.get(0), begun.get(1), environment, stamp)
                         : heap.make(RESUMED, path, gifts.get(index), environment, stamp);
                 episodes.put(index, episode);
             }
@@ -2809,31 +3107,42 @@ public final class WindwardScheme {
 
         boolean isPair(int cell) {
             int cellKind = heap.kindOf(cell);
-            return cellKind == PAIR || cellKind == VIEW;
+            return cellKind == PAIR || cellKind == VIEW || cellKind == QUOTED;
         }
 
-        /** The first part of a pair; 0 if an episode is wanted for it first. */
+        /** The first part of a pair; 0 if something is wanted for it first. */
         int firstOf(int pair) {
-            boolean isView = heap.kindOf(pair) == VIEW;
-            int base = isView ? heap.at(pair, ITEM) : pair;
-            int place = isView ? heap.at(pair, NEXT) : 0;
-            return isRow(base) ? look(base, place) : partOf(base, place);
+            int base = heap.at(pair, ITEM);
+            return heap.kindOf(pair) == VIEW && isRow(base) ? look(base, heap.at(pair, NEXT)) : partOf(pair);
         }
 
-        /** The first part of a pair, or of one that is made anew, with this stamp. */
-        private int partOf(int base, int stamp) {
-            int part = heap.at(base, FIRST);
-            boolean isAnew = heap.kindOf(base) == COPIED && heap.kindOf(part) == COPIED;
-            return isAnew ? heap.make(VIEW, 0, part, stamp, stamp) : part;
+        /** The first part of a pair that is not of a row; 0 if a program is wanted for it first. */
+        private int partOf(int pair) {
+            int base = heap.at(pair, ITEM);
+            switch (heap.kindOf(pair)) {
+                case VIEW:
+                    return heap.at(base, FIRST);
+                case QUOTED:
+                    int program = base >>> OFFSET_BITS;
+                    int part = store.word(program, base & OFFSET_MASK);
+                    if (!store.isLoaded(program)) {
+                        wanted = -program;
+                        return 0;
+                    }
+                    return (part & 1) == 0 ? part >>> 1 : heap.make(QUOTED, 0, program << OFFSET_BITS | part >>> 1, 0, 0);
+                default:
+                    return base;
+            }
         }
 
+        /** The other part of a pair; 0 if a program is wanted for it first. */
         int restOf(int pair) {
             return heap.kindOf(pair) == PAIR ? heap.at(pair, REST) : tailOf(pair, 1);
         }
 
         /**
-         * What is left of a list behind so many parts. A copy is known by its stamp. The place in a datum whose pairs are made
-         * anew is its stamp; so a copy of such a list has two different ones.
+         * What is left of a list behind so many parts; 0 if a program is wanted for it first. A copy is known by its stamp;
+         * what is left of it is a copy, too.
          */
         int tailOf(int list, int parts) {
             int base = list;
@@ -2841,30 +3150,43 @@ public final class WindwardScheme {
             int stamp = 0;
             int count = 0;
             int left = parts;
-            boolean isStamped = false;
             for (int i = 0; i < MAX_CELLS; i++) {
-                if (heap.kindOf(base) == VIEW) {
-                    stamp = isStamped ? stamp : heap.at(base, STAMP);
-                    isStamped = true;
+                int cellKind = heap.kindOf(base);
+                if (cellKind == VIEW) {
+                    stamp = stamp != 0 ? stamp : heap.at(base, STAMP);
                     place = heap.at(base, NEXT);
                     count = heap.noteOf(base);
                     base = heap.at(base, ITEM);
+                    cellKind = heap.kindOf(base);
                 }
-                boolean isCopied = heap.kindOf(base) == COPIED;
-                if (left <= 0 || !isCopied && heap.kindOf(base) != PAIR) {
-                    break;
+                if (cellKind >= ITEMS && cellKind <= LISTED) {
+                    return place + left < count ? heap.make(VIEW, count, base, place + left, stamp) : EMPTY_CELL;
                 }
-                left--;
-                base = heap.at(base, REST);
-                isStamped = isStamped && (!isCopied || heap.kindOf(base) == COPIED || place != stamp);
+                if (cellKind == QUOTED) {
+                    stamp = stamp != 0 ? stamp : heap.at(base, STAMP);
+                    int address = heap.at(base, ITEM);
+                    int program = address >>> OFFSET_BITS;
+                    if (left > 0 && !store.isLoaded(program)) {
+                        wanted = -program;
+                        return 0;
+                    }
+                    int pair = (address & OFFSET_MASK) << 1 | 1;
+                    for (int j = 0; j < MAX_SIZE && left > 0 && (pair & 1) != 0; j++) {
+                        pair = store.word(program, (pair >>> 1) + 1);
+                        left--;
+                    }
+                    if ((pair & 1) != 0) {
+                        return heap.make(QUOTED, 0, program << OFFSET_BITS | pair >>> 1, 0, stamp);
+                    }
+                    base = pair >>> 1;
+                } else if (left > 0 && cellKind == PAIR) {
+                    base = heap.at(base, REST);
+                    left--;
+                } else {
+                    return stamp != 0 && cellKind == PAIR ? heap.make(VIEW, 0, base, 0, stamp) : base;
+                }
             }
-            int baseKind = heap.kindOf(base);
-            if (baseKind >= ITEMS && baseKind <= LISTED) {
-                return place + left < count ? heap.make(VIEW, count, base, place + left, stamp) : EMPTY_CELL;
-            }
-            boolean isCopied = baseKind == COPIED;
-            boolean isView = isStamped && (isCopied || baseKind == PAIR);
-            return isView ? heap.make(VIEW, 0, base, isCopied ? place : 0, stamp) : base;
+            return 0;
         }
 
         /** A copy of a list, of which only the pairs are new. */
@@ -2875,6 +3197,8 @@ public final class WindwardScheme {
                     return heap.make(VIEW, 0, list, 0, stamp);
                 case VIEW:
                     return heap.make(VIEW, heap.noteOf(list), heap.at(list, ITEM), heap.at(list, NEXT), stamp);
+                case QUOTED:
+                    return heap.make(QUOTED, 0, heap.at(list, ITEM), 0, stamp);
                 default:
                     return list;
             }
@@ -2883,12 +3207,6 @@ public final class WindwardScheme {
         /** A new list of the values of a row. */
         int listOf(int row, int count) {
             return heap.make(VIEW, count, row, 0, nextStamp());
-        }
-
-        /** A datum whose pairs are made anew, once for this call. */
-        int madeAnew(int copied) {
-            int stamp = nextStamp();
-            return heap.make(VIEW, 0, copied, stamp, stamp);
         }
 
         /** A new pair, which bears the length of its list, if that is known, so that it is not counted again and again. */
@@ -2914,24 +3232,46 @@ public final class WindwardScheme {
                 case PAIR:
                     int noted = heap.at(cell, MEASURE);
                     return noted >= 0 ? UNKNOWN_LENGTH : noted == NO_LENGTH ? NO_LENGTH : NO_LENGTH - 1 - noted;
-                case COPIED:
+                case QUOTED:
                     return UNKNOWN_LENGTH;
                 default:
                     return isView ? heap.noteOf(list) - heap.at(list, NEXT) : NO_LENGTH;
             }
         }
 
-        /** The number of parts of a list; -1 if it does not end with the empty list. */
+        /** The number of parts of a list; -1 if it does not end with the empty list, or if a program is wanted first. */
         int lengthOf(int list) {
             int cell = list;
-            for (int length = 0; length < MAX_CELLS; length++) {
+            int length = 0;
+            for (int i = 0; i < MAX_CELLS; i++) {
                 int left = quickLength(cell);
                 if (left != UNKNOWN_LENGTH) {
                     return left == NO_LENGTH ? -1 : length + left;
                 }
-                cell = heap.at(heap.kindOf(cell) == VIEW ? heap.at(cell, ITEM) : cell, REST);
+                if (heap.kindOf(cell) == QUOTED) {
+                    int pairs = countOfPairs(heap.at(cell, ITEM));
+                    length += pairs;
+                    cell = tailOf(cell, pairs);
+                    if (cell == 0) {
+                        return -1;
+                    }
+                } else {
+                    cell = heap.at(heap.kindOf(cell) == VIEW ? heap.at(cell, ITEM) : cell, REST);
+                    length++;
+                }
             }
             return -1;
+        }
+
+        /** How many pairs of a program follow one another from one on; 1 if the program is wanted first. */
+        private int countOfPairs(int address) {
+            int program = address >>> OFFSET_BITS;
+            int pair = (address & OFFSET_MASK) << 1 | 1;
+            int count = 0;
+            for (; count < MAX_SIZE && (pair & 1) != 0; count++) {
+                pair = store.word(program, (pair >>> 1) + 1);
+            }
+            return count;
         }
 
         // ---- primitives
@@ -3338,8 +3678,7 @@ public final class WindwardScheme {
             if (environment == 0) {
                 return SYMBOLS;
             }
-            int parameters = heap.at(heap.at(environment, EXTRA), ITEM);
-            return heap.kindOf(environment) == ONE_ENVIRONMENT ? 1 : (parameters >> 1) + (parameters & 1);
+            return heap.kindOf(environment) == ONE_ENVIRONMENT ? 1 : heap.at(environment, EXTRA);
         }
 
         private int depthAt(int environment) {
@@ -3364,13 +3703,14 @@ public final class WindwardScheme {
             int around = environment;
             int outermost = 0;
             boolean isDeep = false;
+            int mostDepth = values.mostAtOnce() / 2;
             for (int i = 0; i < MAX_LEVEL && around != 0; i++) {
                 int here = depthAt(around);
-                outermost = here > LEAST_DEPTH ? around : outermost;
-                isDeep = isDeep || here > LEAST_DEPTH + Math.min(MORE_DEPTH, countOf(around) / 4);
+                outermost = here > Math.min(LEAST_DEPTH, mostDepth / 2) ? around : outermost;
+                isDeep = isDeep || here > Math.min(LEAST_DEPTH + Math.min(MORE_DEPTH, countOf(around) / 4), mostDepth);
                 around = heap.at(around, NEXT);
             }
-            isGlobalDue = isGlobalDue || isDeep && depth > LEAST_DEPTH;
+            isGlobalDue = isGlobalDue || isDeep && depth > Math.min(LEAST_DEPTH, mostDepth / 2);
             if (isDeep) {
                 fill(outermost);
             }
@@ -3423,20 +3763,20 @@ public final class WindwardScheme {
         static final int EVALUATE = 0;
         static final int TAKE = 1;
         static final int APPLY = 2;
-        private static final int PLACE_SHIFT = 2;
-        private static final int PLACE_PARTS = 3;
-        private static final int BASE_SHIFT = 13;
+        private static final int BASE_SHIFT = 11;
         private static final int MAX_LEVELS = 65536;
-        private static final int TASK = 9 + Variables.SEARCH;
+        private static final int TASK = 10 + Variables.SEARCH;
         private static final int MOST_TASKS = 600;
         private static final int CELLS_KEPT = 3;
         private static final int MOST_STEPS_AGAIN = 100000000;
 
         private final Heap heap;
+        private final Store store;
         private final Values values;
         private final Variables variables;
-        // For each form that waits: its slot, where the cell is that with the part at hand; at what height its values begin
-        // and which part of that cell it is; its path, if that was looked for.
+        private int program; // that is evaluated
+        // For each form that waits: its slot, with the place of the part at hand in the image; at what height its values
+        // begin; its path, if that was looked for.
         private final Row cursors;
         private final Row places;
         private final Row paths;
@@ -3452,23 +3792,23 @@ public final class WindwardScheme {
         private int form;
         private final Row tasks; // what waits for an episode that is evaluated again
         private final Row saved;
-        private final Row savedForm;
 
-        Body(Heap heap, Values values, Variables variables) {
+        Body(Heap heap, Store store, Values values, Variables variables) {
             this.heap = heap;
+            this.store = store;
             this.values = values;
             this.variables = variables;
-            cursors = heap.newSlotRoots(MAX_LEVEL, MAX_LEVELS);
+            cursors = new Row(MAX_LEVEL, MAX_LEVELS);
             places = new Row(MAX_LEVEL, MAX_LEVELS);
             paths = heap.newRoots(MAX_LEVEL, MAX_LEVELS);
             stack = values.stack;
             tasks = new Row(0, MAX_LEVELS);
             saved = heap.newRoots(3, 3);
-            savedForm = heap.newSlotRoots(1, 1);
             reset();
         }
 
         private void reset() {
+            program = 0;
             level = -1;
             stack.used = 0;
             below = 0;
@@ -3476,13 +3816,14 @@ public final class WindwardScheme {
             values.forgetBody();
         }
 
-        /** Begins to evaluate a form by itself. */
-        void startWith(int slot, int around) {
+        /** Begins to evaluate a form of a program by itself. */
+        void startWith(int newProgram, int slot, int around) {
             reset();
+            program = newProgram;
             environment = around;
             form = slot;
             mode = EVALUATE;
-            values.beginBody(slot);
+            values.beginBody(program, slot);
         }
 
         /** Ends with a value, or 0. */
@@ -3500,12 +3841,10 @@ public final class WindwardScheme {
 
         /** Lets the heap see what is in use. */
         void save() {
-            cursors.used = level + 1;
             paths.used = level + 1;
             saved.put(0, value);
             saved.put(1, environment);
             saved.put(2, values.wanted);
-            savedForm.put(0, form);
             heap.young = values.oldestStamp();
         }
 
@@ -3542,7 +3881,14 @@ public final class WindwardScheme {
 
         // ---- evaluation
 
-        /** Evaluates the form at hand; if an episode is wanted for it, nothing is done. */
+        /** Whether the image of the program is there; otherwise it is wanted. */
+        boolean hasImage() {
+            boolean isThere = program == 0 || store.isLoaded(program);
+            values.wanted = isThere ? values.wanted : -program;
+            return isThere;
+        }
+
+        /** Evaluates the form at hand; if something is wanted for it, nothing is done. */
         void evaluate() {
             int content = form >>> SLOT_SHIFT;
             int around = 0;
@@ -3550,11 +3896,11 @@ public final class WindwardScheme {
             switch (form & TAG_MASK) {
                 case CALL:
                 case BRANCH:
-                    open(form, heap.at(content, 1));
+                    open(form, store.word(program, content));
                     return;
                 case SEQUENCE:
-                    int next = heap.at(content, 1);
-                    if (slotBehind(content, 0) == 0) {
+                    int next = store.word(program, content);
+                    if (store.word(program, content + 1) == 0) {
                         form = next;
                     } else {
                         open(form, next);
@@ -3582,18 +3928,22 @@ public final class WindwardScheme {
             }
         }
 
-        private void evaluateOther(int cell) {
-            switch (heap.kindOf(cell)) {
+        private void evaluateOther(int node) {
+            int info = store.word(program, node + 1);
+            switch (store.word(program, node)) {
                 case LAMBDA:
-                    give(heap.make(CLOSURE, 0, cell, environment, values.nextStamp()));
+                    give(heap.make(CLOSURE, info, program << OFFSET_BITS | node, environment, values.nextStamp()));
+                    break;
+                case QUOTE:
+                    give(heap.make(QUOTED, 0, program << OFFSET_BITS | info, 0, 0));
                     break;
                 case SYNTAX:
-                    variables.define(heap.at(cell, ITEM), MACRO, heap.at(cell, NEXT));
-                    variables.set(0, heap.at(cell, ITEM), 0);
+                    variables.define(info, MACRO, store.newRules());
+                    variables.set(0, info, 0);
                     give(NOTHING_CELL);
                     break;
                 default:
-                    open(form, heap.at(cell, NEXT));
+                    open(form, store.word(program, node + 2));
             }
         }
 
@@ -3612,62 +3962,65 @@ public final class WindwardScheme {
             return height >= below ? stack.get(ground + height - below) : values.look(values.base(), height);
         }
 
-        /** Lets a form wait for one of its parts. */
+        /** Lets a form wait for its first part. */
         private void open(int slot, int part) {
             level++;
             cursors.put(level, slot);
-            places.put(level, height() << PLACE_SHIFT);
+            places.put(level, height());
             paths.put(level, 0);
             form = part;
         }
 
-        /** The slot behind one of a cell of parts; 0 if there is none. */
-        private int slotBehind(int parts, int index) {
-            return index < 2 ? heap.at(parts, index + 2) : heap.at(heap.noteOf(parts), 1);
-        }
-
-        /** Takes the value for the form that waits for it; if an episode is wanted for it, nothing is done. */
+        /** Takes the value for the form that waits for it; if something is wanted for it, nothing is done. */
         void take() {
             int slot = cursors.get(level);
-            int cell = slot >>> SLOT_SHIFT;
+            int place = slot >>> SLOT_SHIFT;
             paths.put(level, 0);
             switch (slot & TAG_MASK) {
                 case CALL:
                     stack.add(value);
-                    if (!isNextBegun(cell)) {
-                        start = places.get(level) >> PLACE_SHIFT;
+                    if (!isNextBegun(place + 1)) {
+                        start = places.get(level);
                         level--;
                         mode = APPLY;
                     }
                     break;
                 case BRANCH:
                     level--;
-                    form = heap.at(cell, value == FALSE_CELL ? 3 : 2);
+                    form = store.word(program, value == FALSE_CELL ? place + 2 : place + 1);
                     mode = form == 0 ? TAKE : EVALUATE;
                     value = form == 0 ? NOTHING_CELL : value;
                     break;
                 case SEQUENCE:
-                    boolean isNext = isNextBegun(cell);
-                    int now = cursors.get(level) >>> SLOT_SHIFT;
-                    if (!isNext || slotBehind(now, places.get(level) & PLACE_PARTS) == 0) {
-                        level--;
-                    }
+                    // What is the last part of it takes its place.
+                    level -= isNextBegun(place + 1) && store.word(program, place + 2) != 0 ? 0 : 1;
                     break;
                 default:
-                    int symbol = heap.kindOf(cell) == SET_GLOBAL ? heap.at(cell, ITEM) : -1;
-                    int before = symbol < 0 ? 1 : variables.justSet(0, symbol);
-                    before = before == Values.NONE ? variables.valueOf(0, symbol) : before;
+                    int kind = store.word(program, place);
+                    int target = store.word(program, place + 1);
+                    int before = kind == SET_GLOBAL ? variables.justSet(0, target) : 1;
+                    before = before == Values.NONE ? variables.valueOf(0, target) : before;
                     if (before != 0) {
-                        assign(cell);
+                        assign(kind, target);
                     } else if (values.wanted == 0) {
                         mode = 'u';
                     }
             }
         }
 
-        private void assign(int cell) {
-            int target = heap.at(cell, ITEM);
-            if (heap.kindOf(cell) == SET_LOCAL) {
+        /** Goes on to the part of a form that has its slot at a place, if there is one. */
+        private boolean isNextBegun(int place) {
+            int next = store.word(program, place);
+            if (next != 0) {
+                cursors.put(level, place << SLOT_SHIFT | cursors.get(level) & TAG_MASK);
+                form = next;
+                mode = EVALUATE;
+            }
+            return next != 0;
+        }
+
+        private void assign(int kind, int target) {
+            if (kind == SET_LOCAL) {
                 variables.set(variables.around(environment, target), Variables.placeOf(target), value);
             } else {
                 variables.define(target, VARIABLE, value);
@@ -3675,21 +4028,6 @@ public final class WindwardScheme {
             }
             level--;
             value = NOTHING_CELL;
-        }
-
-        /** Goes on to the next part of a form, if there is one. */
-        private boolean isNextBegun(int parts) {
-            int place = places.get(level);
-            int index = place & PLACE_PARTS;
-            int next = slotBehind(parts, index);
-            if (next != 0) {
-                int tag = cursors.get(level) & TAG_MASK;
-                cursors.put(level, index < 2 ? cursors.get(level) : heap.noteOf(parts) << SLOT_SHIFT | tag);
-                places.put(level, index < 2 ? place + 1 : place - index);
-                form = next;
-                mode = EVALUATE;
-            }
-            return next != 0;
         }
 
         // ---- frames
@@ -3715,10 +4053,9 @@ public final class WindwardScheme {
             int path = 0;
             for (int i = 0; i <= level; i++) {
                 if (paths.get(i) == 0) {
-                    int base = places.get(i) >> PLACE_SHIFT;
-                    int behind = i < level ? places.get(i + 1) >> PLACE_SHIFT : height();
-                    int place = base << BASE_SHIFT | behind - base << PLACE_SHIFT | places.get(i) & PLACE_PARTS;
-                    paths.put(i, heap.makeShared(PATH, 0, cursors.get(i), path, place));
+                    int base = places.get(i);
+                    int behind = i < level ? places.get(i + 1) : height();
+                    paths.put(i, heap.makeShared(PATH, program, cursors.get(i), path, base << BASE_SHIFT | behind - base));
                 }
                 path = paths.get(i);
             }
@@ -3728,7 +4065,7 @@ public final class WindwardScheme {
         /** How many values wait at a path. */
         private int countAt(int path) {
             int place = heap.at(path, EXTRA);
-            return (place >> BASE_SHIFT) + (place >> PLACE_SHIFT & PLACE_MASK);
+            return (place >> BASE_SHIFT) + (place & PLACE_MASK);
         }
 
         /** Goes on with the body of a frame, where the value at hand is waited for. */
@@ -3743,15 +4080,15 @@ public final class WindwardScheme {
         /** Lets the forms of a path wait, the innermost one for the value at hand. */
         private void goTo(int path) {
             below = countAt(path);
+            program = heap.noteOf(path);
             level = bottom - 1;
             for (int cell = path; level < MAX_LEVELS && cell != 0; cell = heap.at(cell, NEXT)) {
                 level++;
             }
             int at = path;
             for (int i = level; i >= bottom; i--) {
-                int place = heap.at(at, EXTRA);
                 cursors.put(i, heap.at(at, ITEM));
-                places.put(i, place >> BASE_SHIFT << PLACE_SHIFT | place & PLACE_PARTS);
+                places.put(i, heap.at(at, EXTRA) >> BASE_SHIFT);
                 paths.put(i, at);
                 at = heap.at(at, NEXT);
             }
@@ -3760,10 +4097,17 @@ public final class WindwardScheme {
 
         // ---- episodes that are evaluated again
 
-        /** Evaluates the episode that is wanted again, and those that are wanted for it; whether there was room for it. */
+        boolean isRecalling() {
+            return tasks.used > 0;
+        }
+
+        /**
+         * Evaluates the episode that is wanted again, and those that are wanted for it; it may be that a program is wanted, and
+         * it is gone on with behind that. Whether there was room for it.
+         */
         boolean recall(int reserve) {
             boolean isRight = true;
-            for (int i = 0; i < MOST_STEPS_AGAIN && isRight && (values.wanted != 0 || tasks.used > 0); i++) {
+            for (int i = 0; i < MOST_STEPS_AGAIN && isRight && values.wanted >= 0 && (values.wanted != 0 || tasks.used > 0); i++) {
                 isRight = stack.used < MOST_STACKED && tasks.used < TASK * MOST_TASKS;
                 if (heap.freeCells < STEP) {
                     save();
@@ -3777,18 +4121,23 @@ public final class WindwardScheme {
                     values.wanted = 0;
                 } else if (values.wanted != 0) {
                     beginAgain(values.wanted);
-                } else if (mode == EVALUATE) {
-                    evaluate();
-                } else if (mode == TAKE && level >= bottom) {
-                    take();
-                } else {
+                } else if (mode > APPLY || mode == APPLY || mode == TAKE && level < bottom) {
                     isRight = variables.remember(stack.get(ground - 1), ground);
                     dropTask();
+                } else if (!hasImage()) {
+                    break;
+                } else if (mode == EVALUATE) {
+                    evaluate();
+                } else {
+                    take();
                 }
             }
-            boolean isDone = isRight && values.wanted == 0 && tasks.used == 0;
-            dropTasks();
-            return isDone;
+            save();
+            boolean isDone = values.wanted < 0 || values.wanted == 0 && tasks.used == 0;
+            if (!isRight || !isDone) {
+                dropTasks();
+            }
+            return isRight && isDone;
         }
 
         private void beginAgain(int episode) {
@@ -3802,6 +4151,7 @@ public final class WindwardScheme {
             tasks.add(values.stamps);
             tasks.add(variables.time);
             tasks.add(variables.first);
+            tasks.add(program);
             for (int i = 0; i < Variables.SEARCH; i++) {
                 tasks.add(variables.search.get(i));
                 variables.search.put(i, 0);
@@ -3822,6 +4172,7 @@ public final class WindwardScheme {
             environment = heap.at(episode, AROUND);
             if (heap.kindOf(episode) == BEGUN) {
                 form = heap.at(episode, ITEM);
+                program = heap.noteOf(episode);
                 mode = EVALUATE;
             } else {
                 value = heap.at(episode, ITEM);
@@ -3847,12 +4198,13 @@ public final class WindwardScheme {
             variables.time = tasks.get(task + 7);
             variables.first = tasks.get(task + 8);
             for (int i = 0; i < Variables.SEARCH; i++) {
-                variables.search.put(i, tasks.get(task + 9 + i));
+                variables.search.put(i, tasks.get(task + 10 + i));
             }
+            program = tasks.get(task + 9);
             tasks.used = task;
         }
 
-        private void dropTasks() {
+        void dropTasks() {
             for (int i = 0; i < MAX_LEVELS && tasks.used >= TASK; i++) {
                 dropTask();
             }
@@ -3875,12 +4227,13 @@ public final class WindwardScheme {
         private static final int APPLICATIONS_OF_RUN = 9;
         private static final int TALLIES = 10;
         private static final byte[] ARGUMENTS = {2, 2, 2, 2, 2, 2, 2, 1, 1, 1, 1, 2, 1, 3, 2, 1, 2, 1, 2, 1};
-        private static final int MOST_ARGUMENTS = 3;
         private static final int PROCEDURE = 3; // behind the arguments of a primitive
-        private static final int ANSWER = 4;
+        private static final int ANSWER = 4; // of first and rest
+        private static final int LENGTH = 5; // of the list that is applied to; -1 if it is none
         private static final int FIRST_SYMBOL = 17;
         private static final int REST_SYMBOL = 18;
         private static final int FIRST_CONTROL = 22;
+        private static final int APPLY_SYMBOL = 24;
         private static final int NOT_SYMBOL = 25;
         private static final int REGISTERS = 5;
         private static final int ENTERING = 1;
@@ -3903,6 +4256,7 @@ public final class WindwardScheme {
         private int list; // the arguments, if they are the parts of a list; otherwise 0
         private int topWind;
         private int topHandler;
+        private int fuel;
         private int found; // of the procedure and the arguments, for what is applied next
         private int recalls; // that were needed for what is done next
 
@@ -3913,7 +4267,7 @@ public final class WindwardScheme {
             this.body = body;
             tallies = new long[TALLIES];
             saved = heap.newRoots(REGISTERS, REGISTERS);
-            arguments = heap.newRoots(ANSWER + 1, ANSWER + 1);
+            arguments = heap.newRoots(LENGTH + 1, LENGTH + 1);
         }
 
         boolean isBegun() {
@@ -3964,24 +4318,33 @@ public final class WindwardScheme {
             save();
         }
 
-        /** Begins with this program; with 0, which is a wrong one, it ends at once. */
-        char start(int program, char wrong) {
+        /** Begins with this program; if it has no slot, it is wrong, and ends at once. */
+        char start(int program, int slot, char wrong) {
             tallies[APPLICATIONS_OF_RUN] = 0;
             status = 'r';
-            body.startWith(program, 0);
-            if (program == 0) {
+            body.startWith(program, slot, 0);
+            if (slot == 0) {
                 fail(wrong);
             }
             save();
             return stateNow();
         }
 
-        char goOn(int units) {
-            int fuel = units;
+        /** Lets there be so many applications. */
+        void refuel(int units) {
+            fuel = units;
+        }
+
+        /** Goes on with the run; the number of a program that must be expanded for it first, or 0 at the end. */
+        int goOn() {
             for (int i = 0; i < MAX_STEPS && status == 'r' && (body.mode != Body.APPLY || fuel > 0); i++) {
                 recalls = values.wanted == 0 ? 0 : recalls + 1;
                 boolean hasRoom = hasRoom();
-                if (hasRoom && values.wanted != 0) {
+                if (hasRoom && (values.wanted < 0 || values.wanted == 0 && !body.hasImage())) {
+                    save();
+                    return -values.wanted;
+                }
+                if (hasRoom && (values.wanted != 0 || body.isRecalling())) {
                     save();
                     hasRoom = recalls < MOST_RECALLS && body.recall(RESERVE);
                 } else if (hasRoom && variables.filling != 0) {
@@ -4026,7 +4389,17 @@ public final class WindwardScheme {
                 }
             }
             save();
-            return stateNow();
+            return 0;
+        }
+
+        /** Goes on behind the expansion of a program, which may have found no room. */
+        void takeProgram(boolean isThere) {
+            values.wanted = 0;
+            if (!isThere) {
+                body.dropTasks();
+                variables.commit(body.environment, values.beginOfLast() - body.below, false);
+                fail('o');
+            }
         }
 
         /** Whether there is room for the next step. */
@@ -4151,27 +4524,33 @@ public final class WindwardScheme {
         private boolean isReady() {
             int procedure = found > 0 ? arguments.get(PROCEDURE) : body.valueAt(body.start);
             int symbol = heap.kindOf(procedure) == PRIMITIVE ? heap.at(procedure, AMOUNT) : 0;
+            int count = argumentCount();
             boolean isLeft = symbol == 0 || symbol >= FIRST_CONTROL && symbol != NOT_SYMBOL;
-            if (procedure == 0 || isLeft && !variables.areShallow(body.environment)) {
+            if (procedure == 0 || values.wanted != 0 || isLeft && !variables.areShallow(body.environment)) {
                 return false;
             }
             arguments.put(PROCEDURE, procedure);
             found = Math.max(found, 1);
             int needed = symbol == 0 ? 1 : argumentsOf(symbol);
-            if (heap.kindOf(procedure) == CLOSURE || argumentCount() != needed) {
+            if (heap.kindOf(procedure) == CLOSURE || count != needed) {
                 return true;
             }
             for (; found <= needed; found++) {
                 int left = list == 0 ? 0 : values.tailOf(list, found - 1);
-                int argument = list == 0 ? body.valueAt(body.start + found) : values.firstOf(left);
+                int argument = list == 0 ? body.valueAt(body.start + found) : left == 0 ? 0 : values.firstOf(left);
                 if (argument == 0) {
                     return false;
                 }
                 arguments.put(found - 1, argument);
             }
-            boolean isFirst = symbol == FIRST_SYMBOL && values.isPair(arguments.get(0));
-            arguments.put(ANSWER, isFirst ? values.firstOf(arguments.get(0)) : 0);
-            return !isFirst || arguments.get(ANSWER) != 0;
+            int one = arguments.get(0);
+            boolean isOfPair = (symbol == FIRST_SYMBOL || symbol == REST_SYMBOL) && values.isPair(one);
+            if (isOfPair) {
+                arguments.put(ANSWER, symbol == FIRST_SYMBOL ? values.firstOf(one) : values.restOf(one));
+            } else if (symbol == APPLY_SYMBOL) {
+                arguments.put(LENGTH, values.lengthOf(arguments.get(1)));
+            }
+            return values.wanted == 0;
         }
 
         private static int argumentsOf(int symbol) {
@@ -4181,9 +4560,9 @@ public final class WindwardScheme {
 
         /** Makes the environment in which the body of a closure is evaluated. */
         private void bind(int closure) {
-            int lambda = heap.at(closure, CODE);
-            int parameters = heap.at(lambda, ITEM) >> 1;
-            boolean hasRest = (heap.at(lambda, ITEM) & 1) != 0;
+            int info = heap.noteOf(closure);
+            int parameters = info >> 1;
+            boolean hasRest = (info & 1) != 0;
             int count = argumentCount();
             if (count < parameters || count > parameters && !hasRest) {
                 body.mode = 'a';
@@ -4211,7 +4590,7 @@ public final class WindwardScheme {
             if (bound == 1 && !values.isRow(row)) {
                 inner = heap.make(ONE_ENVIRONMENT, 0, row, inner, 0);
             } else if (bound > 0) {
-                inner = heap.make(ENVIRONMENT, 0, row, inner, lambda);
+                inner = heap.make(ENVIRONMENT, 0, row, inner, bound);
             }
             due = ENTERING;
         }
@@ -4231,7 +4610,7 @@ public final class WindwardScheme {
             if (symbol != FIRST_SYMBOL && symbol != REST_SYMBOL) {
                 answer = values.answer(symbol, one, arguments.get(1));
             } else if (values.isPair(one)) {
-                answer = symbol == FIRST_SYMBOL ? arguments.get(ANSWER) : values.restOf(one);
+                answer = arguments.get(ANSWER);
             }
             if (answer < 0) {
                 body.mode = -answer;
@@ -4243,8 +4622,9 @@ public final class WindwardScheme {
         /** Goes on with what is due when the body has been left. */
         private void goInto(int procedure) {
             if (due == ENTERING) {
-                int lambda = heap.at(procedure, CODE);
-                body.startWith(SEQUENCE | heap.at(lambda, NEXT) << SLOT_SHIFT, inner);
+                int address = heap.at(procedure, CODE);
+                int slots = (address & OFFSET_MASK) + 2;
+                body.startWith(address >>> OFFSET_BITS, SEQUENCE | slots << SLOT_SHIFT, inner);
             } else {
                 control(due, arguments.get(0), arguments.get(1), arguments.get(2));
             }
@@ -4262,7 +4642,7 @@ public final class WindwardScheme {
                 case 24:
                     body.applyLater(one);
                     list = other;
-                    if (values.lengthOf(other) < 0) {
+                    if (arguments.get(LENGTH) < 0) {
                         body.mode = 't';
                     }
                     break;
