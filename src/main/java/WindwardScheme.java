@@ -116,7 +116,7 @@ public final class WindwardScheme {
     private static final int CALL = 0; // where its slots are
     private static final int BRANCH = 1; // where its slots are
     private static final int SEQUENCE = 2; // where its slots are
-    private static final int OTHER = 3; // where the node is
+    private static final int OTHER = 3; // where the node is; what follows is not in the image
     private static final int CONSTANT = 4; // cell
     private static final int QUOTATION = 5; // cell
     private static final int LOCAL = 6; // place among the variables of its lambda, how many environments out
@@ -3881,9 +3881,10 @@ public final class WindwardScheme {
 
         // ---- evaluation
 
-        /** Whether the image of the program is there; otherwise it is wanted. */
+        /** Whether the image of the program is there, if it is looked at next; otherwise it is wanted. */
         boolean hasImage() {
-            boolean isThere = program == 0 || store.isLoaded(program);
+            boolean isLookedAt = mode == EVALUATE ? (form & TAG_MASK) <= OTHER : mode == TAKE && level >= bottom;
+            boolean isThere = !isLookedAt || store.isLoaded(program);
             values.wanted = isThere ? values.wanted : -program;
             return isThere;
         }

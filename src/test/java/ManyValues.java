@@ -23,6 +23,9 @@ public final class ManyValues {
         otherPlaces();
         largePrograms();
         comeBackToMany();
+        variablesInAnyOrder();
+        orderedAndComeBackTo();
+        programsThatAreKept();
         System.out.println(wrong == 0 ? "all values are held" : wrong + " answers are not as due");
         if (wrong != 0) System.exit(1);
     }
@@ -298,5 +301,172 @@ public final class ManyValues {
         comesTo("arguments that go round", String.valueOf(78L * 3000), "(s3 s58 (s2 (" + parameters + "s43) " + sum.toString().replaceAll("\\((s\\d+)\\)", "$1") + "s43" + ")".repeat(12) + "))",
                 "(s3 s30 (s2 (s59 " + parameters + ") (s1 (s14 s59 3000) (s58 " + parameters + "(s30 (s10 s59 1) " + turned + ")) 0)))",
                 "(s30 0 " + symbols(1, 12, "%d") + ")");
+    }
+
+    // ---- variables that change places, in an order that is another one at each application
+
+    private static String order(int seed, int from, int count) {
+        java.util.List<String> names = new java.util.ArrayList<>();
+        for (int i = 0; i < count; i++) names.add("s" + (from + i));
+        java.util.Collections.shuffle(names, new java.util.Random(seed));
+        return String.join(" ", names);
+    }
+
+    /** Settings by which each variable gets the value of another one, by s58. */
+    private static String orderBySet(int seed, int from, int count) {
+        String[] names = order(seed, from, count).split(" ");
+        StringBuilder settings = new StringBuilder();
+        boolean[] done = new boolean[count];
+        for (int i = 0; i < count; i++) {
+            if (done[i]) continue;
+            settings.append("(s4 s58 s").append(from + i).append(") ");
+            int at = i;
+            while (true) {
+                done[at] = true;
+                int next = Integer.parseInt(names[at].substring(1)) - from;
+                settings.append("(s4 s").append(from + at).append(next == i ? " s58) " : " s" + (from + next) + ") ");
+                if (next == i) break;
+                at = next;
+            }
+        }
+        return settings.toString();
+    }
+
+    private static String flags(int count) {
+        StringBuilder text = new StringBuilder();
+        for (int i = 0; i < count; i++) text.append(i * 7 % 3 == 0 ? "#f " : (i + 1) + " ");
+        return text.toString();
+    }
+
+    /** A macro that gives another one, s51, so many pairs of names of its own: four for each part of its first list. */
+    private static final String NAMES = "(s6 s50 () ((s8 () (s31 s7)) (s51 s31 s7)) ((s8 (s32 s33 s7) (s31 s7)) "
+            + "(s50 (s33 s7) ((s34 s35) (s36 s37) (s38 s39) (s40 s41) s31 s7))))";
+
+    private static void variablesInAnyOrder() throws IllegalAccessException {
+        String all = symbols(30, 28, "s%d");
+        endless("variables in any order by set", "(s3 s58 0)", "(s3 s59 (s2 (" + all + ") (s1 s30 (s5 " + orderBySet(1, 30, 28) + ") (s5 "
+                + orderBySet(2, 30, 28) + ")) (s5 (s59 " + all + ") s30)))", "(s59 " + flags(28) + ")");
+        String[] globals = new String[31];
+        for (int i = 0; i < 28; i++) globals[i] = "(s3 s" + (30 + i) + " " + flags(28).split(" ")[i] + ")";
+        globals[28] = "(s3 s58 0)";
+        globals[29] = "(s3 s59 (s2 () (s1 s30 (s5 " + orderBySet(1, 30, 28) + ") (s5 " + orderBySet(2, 30, 28) + ")) (s10 " + all + " (s59))))";
+        globals[30] = "(s59)";
+        endless("global variables in any order by set", globals);
+        endless("variables of several levels", "(s3 s59 0)", "(s4 s59 ((s2 (s31) ((s2 (s32) ((s2 (s33) ((s2 (s34) (s2 () (s4 s31 (s2 () 1)) (s4 s32 (s2 () 2)) "
+                + "(s4 s33 (s2 () 3)) (s4 s34 (s2 () 4)) (s10 s31 s32 s33 s34 (s59)))) 4)) 3)) 2)) 1))", "(s59)");
+        for (int parts : new int[] {10, 50}) {
+            endless(8 * parts + " variables in any order by call", NAMES, "(s6 s51 () ((s8 (s31 s32) (s33 s34) s7) (s3 s59 (s2 (s31 s33 s7 s32 s34 s7) "
+                    + "(s5 (s1 s31 (s59 s32 s34 s7 s31 s33 s7) (s59 s33 s7 s31 s32 s34 s7)) s31)))))", "(s50 (" + symbols(1, parts, "%d") + ") ())",
+                    "(s59 " + flags(8 * parts) + ")");
+        }
+        endless("80 variables in any order by set", NAMES, "(s6 s52 () ((s8 s30) (s5)) ((s8 s30 s31) (s4 s31 s30)) "
+                + "((s8 s30 s31 s32 s33 s7) (s5 (s4 s31 s32) (s52 s30 s32 s33 s7))))",
+                "(s6 s51 () ((s8 (s31 s32) (s33 s34) s7) (s3 s59 (s2 (s31 s33 s7 s32 s34 s7) (s5 (s4 s31 s32) (s4 s33 s34) s7 "
+                + "(s1 s31 (s59 s32 s34 s7 s31 s33 s7) (s59 s33 s7 s31 s32 s34 s7)) s31)))))", "(s50 (" + symbols(1, 10, "%d") + ") ())",
+                "(s59 " + flags(80) + ")");
+        endless("continuations of lists", "(s3 s51 0)", "(s3 s53 (s2 s31 s31))", "(s3 s54 (s0 ()))", "(s3 s52 0)", "(s5 (s4 s54 (s16 (s53 "
+                + symbols(1, 30, "(s5 (s25 1) %d)") + " (s22 (s2 (s32) (s5 (s4 s51 s32) 0)))) s54)) (s4 s52 (s10 s52 1)) (s51 s52))");
+        String large = "(s6 s52 () ((s8 s30) s30) ((s8 s30 s31 s7) (s53 " + times(15, "s31 s7") + ")))";
+        endless("a list of 900 parts", "(s3 s53 (s2 s31 s31))", large, "(s3 s54 (s52 0 " + symbols(1, 60, "%d") + "))",
+                "(s3 s55 (s2 (s30 . s31) (s10 1 (s24 s55 (s16 (s10 s30 1) s31)))))", "(s24 s55 s54)");
+    }
+
+    /** What comes out is what comes out of PlainScheme. */
+    private static void sameAsPlain(String what, String... programs) throws IllegalAccessException {
+        PlainScheme plain = new PlainScheme();
+        char state = 'v';
+        for (String program : programs) {
+            place = 0;
+            plain.begin(layOne(plain, program));
+            for (int i = 0; i < 1000 && plain.state() == 'r'; i++) state = plain.run(500);
+        }
+        due(what + " state", state, 'v');
+        int length = plain.writeValue();
+        StringBuilder value = new StringBuilder();
+        for (int i = 0; i < length; i++) value.append(plain.charAt(i));
+        comesTo(what, value.toString(), programs);
+    }
+
+    private static void orderedAndComeBackTo() throws IllegalAccessException {
+        String all = symbols(30, 28, "s%d");
+        sameAsPlain("ordered by call and come back to", "(s3 s59 (s2 (s9 " + all + ") (s1 (s14 s9 20000) (s10 (s1 s31 1 0) (s1 s30 (s59 (s10 s9 1) "
+                + order(1, 30, 28) + ") (s59 (s10 s9 1) " + order(2, 30, 28) + "))) 0)))", "(s59 0 " + flags(28) + ")");
+        sameAsPlain("ordered by set and come back to", "(s3 s58 0)", "(s3 s59 (s2 (s9 " + all + ") (s1 (s14 s9 20000) (s10 (s1 s31 1 0) (s5 (s1 s30 (s5 "
+                + orderBySet(1, 30, 28) + ") (s5 " + orderBySet(2, 30, 28) + ")) (s10 (s1 s31 1 0) (s59 (s10 s9 1) " + all + ")))) 0)))",
+                "(s59 0 " + flags(28) + ")");
+        String[] globals = new String[30];
+        for (int i = 0; i < 26; i++) globals[i] = "(s3 s" + (30 + i) + " " + flags(26).split(" ")[i] + ")";
+        globals[26] = "(s3 s58 0)";
+        globals[27] = "(s3 s57 (s2 (s41 . s42) s41))";
+        globals[28] = "(s3 s59 (s2 (s9) (s1 (s14 s9 20000) (s5 (s1 s30 (s5 " + orderBySet(1, 30, 26) + ") (s5 " + orderBySet(2, 30, 26)
+                + ")) (s10 (s1 s31 1 0) (s57 (s59 (s10 s9 1)) " + symbols(30, 26, "s%d") + "))) 0)))";
+        globals[29] = "(s59 0)";
+        sameAsPlain("global variables ordered by set and come back to", globals);
+        sameAsPlain("200 variables ordered and come back to", NAMES, "(s6 s51 () ((s8 (s30 s32) (s33 s34) s7) (s3 s59 (s2 (s30 s32 s33 s7 s34 s7) "
+                + "(s1 (s14 s30 5000) (s10 (s1 s32 1 0) (s1 s32 (s59 (s10 s30 1) s34 s7 s32 s33 s7) (s59 (s10 s30 1) s33 s7 s32 s34 s7))) 0)))))",
+                "(s50 (" + symbols(1, 25, "%d") + ") ())", "(s59 0 " + flags(199) + ")");
+        sameAsPlain("2100 values come back to", "(s3 s31 (s2 (s41 . s42) s41))", "(s6 s40 () ((s8 s41 s9) (s31 s9 " + times(50, "s41") + ")))",
+                "(s3 s30 (s2 (s41) (s1 (s14 s41 500) " + "(s40 s41 ".repeat(42) + "(s10 1 (s30 (s10 s41 1)))" + ")".repeat(42) + " 0)))", "(s30 0)");
+    }
+
+    private static int layOne(PlainScheme x, String program) {
+        while (program.charAt(place) == ' ') place++;
+        if (program.charAt(place) == '(') {
+            place++;
+            java.util.List<Integer> parts = new java.util.ArrayList<>();
+            int end = -1;
+            while (true) {
+                while (program.charAt(place) == ' ') place++;
+                if (program.charAt(place) == ')') break;
+                boolean isDot = program.startsWith(". ", place);
+                place += isDot ? 2 : 0;
+                if (isDot) end = layOne(x, program);
+                else parts.add(layOne(x, program));
+            }
+            place++;
+            int list = end < 0 ? x.empty() : end;
+            for (int i = parts.size() - 1; i >= 0; i--) list = x.pair(parts.get(i), list);
+            return list;
+        }
+        int start = place;
+        while (" ()".indexOf(program.charAt(place)) < 0) place++;
+        String atom = program.substring(start, place);
+        return atom.equals("#t") ? x.truth(true) : atom.equals("#f") ? x.truth(false)
+                : atom.startsWith("s") ? x.symbol(Integer.parseInt(atom.substring(1))) : x.number(Integer.parseInt(atom), 1);
+    }
+
+    // ---- programs of which procedures, continuations, and quoted data are kept, each of its own
+
+    private static void programsThatAreKept() throws IllegalAccessException {
+        String numbers = symbols(1, 60, "%d");
+        String turns = "(" + times(60, "s29") + ") s30 (" + numbers;
+        String uses = "(s50 " + turns + ")) (s50 " + turns + " 77)) (s50 " + turns + " 78))";
+        String code = "(s6 s50 () ((s8 (s29) s30 (s31 s32 s7)) s30) ((s8 (s29 s33 s7) s30 (s31 s32 s7)) "
+                + "(s5 (s1 #f (s9 " + times(20, "s31 s32 s7 s30") + ")) (s50 (s33 s7) s30 (s32 s7 s31)))))";
+        keep("procedures", "((s17 %d))", code, "(s6 s51 () ((s8 s30) (s4 s58 (s16 (s2 () " + uses + ") s58))))");
+        keep("continuations", "((s17 %d) 2)", code,
+                "(s6 s51 () ((s8 s30) ((s2 () (s22 (s2 (s31) (s4 s58 (s16 s31 s58)))) (s1 #f (s5 " + uses + ") s30)))))");
+        String quotes = "(s6 s50 () ((s8 (s29) s30 (s31 s32 s7)) 5) ((s8 (s29 s33 s7) s30 (s31 s32 s7)) "
+                + "(s5 (s4 s58 (s16 (s0 (s30 " + times(20, "s31 s32 s7 s40") + ")) s58)) (s50 (s33 s7) s30 (s32 s7 s31)))))";
+        keep("quoted data", "(s17 (s17 %d))", quotes, "(s6 s51 () ((s8 s30) (s5 (s50 " + turns + ")) (s50 " + turns + ")))))");
+    }
+
+    /** Begins 40 programs, each with a number of its own, which must be found in what they kept in s58. */
+    private static void keep(String what, String probe, String... macros) throws IllegalAccessException {
+        WindwardScheme x = new WindwardScheme();
+        due(what, finish(x, "(s3 s58 (s0 ()))"), 'v');
+        due(what, finish(x, "(s3 s9 (s2 s31 1))"), 'v');
+        for (String macro : macros) due(what, finish(x, macro), 'v');
+        for (int i = 0; i < 40; i++) due(what + " " + i, finish(x, "(s51 " + (1000 + i) + ")"), 'v');
+        due(what + " expansions", x.expansions() > 40 * 120, true);
+        due(what, finish(x, "(s3 s56 (s2 (s31 s32) (s1 (s14 s31 1) s32 (s56 (s11 s31 1) (s18 s32)))))"), 'v');
+        int each = what.equals("quoted data") ? 118 : 1;
+        for (int i = 0; i < 40; i += 3) {
+            x.begin(lay(x, "(s3 s57 (s56 " + each * i + " s58))"));
+            for (int j = 0; j < 40 && x.state() == 'r'; j++) x.run(500);
+            due(what, finish(x, probe.replace("%d", "s57")), 'v');
+            due(what + " value", RoomTests.valueOf(x), 1039 - i);
+        }
+        RoomTests.room(what + " of programs", x, 2500000);
     }
 }

@@ -13,6 +13,8 @@ import java.util.Random;
 public final class RandomRuns {
     private static final Map<String, Method> METHODS = new HashMap<>();
 
+    private static final int KINDS = 9;
+
     private final Random random;
     private final WindwardScheme tested = new WindwardScheme();
     private final PlainScheme plain = new PlainScheme();
@@ -28,9 +30,9 @@ public final class RandomRuns {
         long seed = args.length > 1 ? Long.parseLong(args[1]) : 1;
         for (int i = 0; i < objects; i++) {
             RandomRuns runs = new RandomRuns(seed + i);
-            runs.one(i % 7);
+            runs.one(i % KINDS);
             if (runs.wrong > 0) {
-                System.out.println("seed " + (seed + i) + ", kind " + i % 7);
+                System.out.println("seed " + (seed + i) + ", kind " + i % KINDS);
                 for (String line : runs.history) System.out.println(line);
                 System.exit(1);
             }
@@ -168,6 +170,8 @@ public final class RandomRuns {
                 else if (kind == 4) wildCalls();
                 else if (kind == 5) waitingProgram(i);
                 else if (kind == 6) deepProgram();
+                else if (kind == 7) keptProgram(i);
+                else if (kind == 8) manyVariables(i);
                 else program(kind == 1);
             }
         } catch (TooMuch e) {
@@ -748,6 +752,142 @@ public final class RandomRuns {
         call("error");
         call("writeValue");
         text();
+    }
+
+    // ---- what macros quote and make procedures of is kept in s40, and taken apart by later programs
+
+    private String quoted(int depth) {
+        if (depth == 0 || chance(25)) return pick("s30", "s31", "s41", "s42", "1", "2/3", "#f", "()", "s30", "s0");
+        StringBuilder list = new StringBuilder("(");
+        int count = 1 + random.nextInt(4);
+        for (int i = 0; i < count; i++) list.append(chance(15) ? "s32 s7" : quoted(depth - 1)).append(' ');
+        if (chance(20)) list.append(". ").append(quoted(0));
+        return list.append(")").toString();
+    }
+
+    private String made(int depth) {
+        switch (random.nextInt(depth <= 0 ? 3 : 6)) {
+            case 0:
+                return "(quote " + quoted(3) + ")";
+            case 1:
+                return "(quote s30)";
+            case 2:
+                return pick("(quote (s30 s30 s32 s7))", "1", "(s34 (quote s32) s7)", "s40");
+            case 3:
+                return "(lambda s41 " + made(depth - 1) + ")";
+            case 4:
+                return "(lambda (s41 . s42) (s34 s41 s42 " + made(depth - 1) + "))";
+            default:
+                return "((lambda (s41) (s34 s41 s41 " + made(depth - 1) + ")) " + made(depth - 1) + ")";
+        }
+    }
+
+    private String element() {
+        String list = "s40";
+        int steps = random.nextInt(5);
+        for (int i = 0; i < steps; i++) list = "(s18 " + list + ")";
+        return "(s17 " + list + ")";
+    }
+
+    private String probe(int depth) {
+        if (depth == 0) return element();
+        String p = probe(depth - 1);
+        switch (random.nextInt(9)) {
+            case 0:
+                return "(s17 " + p + ")";
+            case 1:
+                return "(s18 " + p + ")";
+            case 2:
+                return "(s21 " + p + " " + probe(depth - 1) + ")";
+            case 3:
+                return "(s24 s34 " + p + ")";
+            case 4:
+                return "(" + p + " " + probe(0) + ")";
+            case 5:
+                return "(s34 " + p + " " + probe(0) + " (s18 " + p + "))";
+            case 6:
+                return "(s24 (lambda (s41 s42 s43 s44 s45 s46 . s47) (s34 s46 s47 s41)) (s34 " + p + " " + p + " 3 4 5 6 7))";
+            case 7:
+                return "(s24 " + p + " " + probe(0) + ")";
+            default:
+                return "((lambda (s41) (s34 (s21 s41 " + p + ") s41)) " + p + ")";
+        }
+    }
+
+    private void keptProgram(int number) throws Exception {
+        if (number == 0) {
+            lay1("(define s34 (lambda s47 s47))");
+            lay1("(define s40 (quote ()))");
+            lay1("(define s35 #f)");
+            for (int i = 0; i < 3; i++) lay1("(define-syntax s5" + i + " () ((s50 s30 . s31) (set s40 (s16 (quote (s30 s41 " + quoted(2).replace("s32 s7", "s30") + ")) s40))))");
+            lay1("(define-syntax s53 () ((s50 s54 s55 s7) (begin (s50 s54) s55 s7)))");
+        }
+        if (number % 5 == 3) {
+            lay1("(define-syntax s5" + random.nextInt(3) + " (s39) ((s50 s30 (s32 s7) . s31) (set s40 (s16 " + made(2) + " s40)))"
+                    + " ((s50 s30) (set s40 (s34 (quote " + quoted(3).replace("s32 s7", "s30").replace("s31", "s30") + ") s40 s40))))");
+        }
+        switch (random.nextInt(4)) {
+            case 0:
+                runProgram("(s5" + random.nextInt(3) + " " + datum(2) + " (" + datum(1) + " " + datum(0) + ") " + datum(2) + " " + datum(1) + ")");
+                break;
+            case 1:
+                runProgram("(begin (s5" + random.nextInt(3) + " " + datum(1) + " (1 2 s41) 3) (s5" + random.nextInt(3) + " " + datum(2)
+                        + ") (s53 " + datum(1) + " 4) (s22 (lambda (s41) (set s35 s41))) s40)");
+                break;
+            case 2:
+                runProgram(chance(30) ? "(if s35 (s35 1) 2)" : "(set s40 (s34 " + element() + " " + element() + " " + element() + "))");
+                break;
+            default:
+                runProgram(probe(1 + random.nextInt(3)));
+        }
+        call("writeGlobal", 40);
+        text();
+    }
+
+    // ---- procedures with more variables than there are symbols, which are set and handed on at other places
+
+    private void manyVariables(int number) throws Exception {
+        if (number > 0) {
+            runProgram(chance(50) ? "(s31 " + random.nextInt(20) + ")" : "(s59 " + (20 + random.nextInt(30)) + " " + all() + ")");
+            return;
+        }
+        lay1("(define s40 (lambda s47 s47))");
+        lay1("(define s31 (lambda (s41) s41))");
+        lay1("(define s38 0)");
+        lay1("(define-syntax s50 () ((s8 () (s31 s7)) (s51 s31 s7)) "
+                + "((s8 (s32 s33 s7) (s31 s7)) (s50 (s33 s7) ((s34 s35) (s36 s37) s31 s7))))");
+        String wait = chance(50) ? "(s40 s32 s35 s7 " : "(s40 (lambda () s34) s36 s7 s33 ";
+        String kept = chance(50) ? "(if (s15 s30 " + (30 + random.nextInt(30)) + ") (s22 (lambda (s57) (begin (set s31 s57) 1))) 2) " : "";
+        lay1("(define-syntax s51 () ((s8 (s32 s34) (s33 s56) (s35 s36) s7) (define s59 (lambda (s30 s32 s33 s35 s7 s34 s56 s36 s7) "
+                + "(if (s14 s30 60) (begin " + settings() + rowSettings() + "(s17 (s18 " + wait + kept + "(if s32 (s59 (s10 s30 1) " + order()
+                + ") (begin " + rowSettings() + settings() + "(s59 (s10 s30 1) " + order() + "))) s35 s7)))) (s40 s32 s35 s7))))))");
+        StringBuilder numbers = new StringBuilder();
+        int half = 2 + random.nextInt(12);
+        for (int i = 0; i < half; i++) numbers.append(i).append(' ');
+        pairs = 2 * half;
+        lay1("(s50 (" + numbers + ") ())");
+        runProgram("(s59 " + (20 + random.nextInt(40)) + " " + all() + ")");
+    }
+
+    private int pairs;
+
+    private String order() {
+        return pick("s33 s56 s35 s7 s32 s34 s36 s7", "s34 s32 s36 s7 s33 s56 s35 s7", "s36 s7 s34 s35 s7 s33 s56 s32",
+                "(if s56 s34 s32) (s17 (s40 s34)) s36 s7 (begin 1 s33) s35 s7 s56", "(lambda () s34) s33 s35 s7 s56 s36 s7 s32");
+    }
+
+    private String settings() {
+        return pick("", "(set s32 s34) ", "(begin (set s38 s32) (set s32 s33) (set s33 s38)) ", "(set s34 s56) (set s56 s32) ");
+    }
+
+    private String rowSettings() {
+        return pick("", "(set s35 s36) s7 ", "(set s36 s35) s7 (set s38 s33) ", "(begin (set s38 s35) (set s35 s36) (set s36 s38)) s7 ");
+    }
+
+    private String all() {
+        StringBuilder numbers = new StringBuilder();
+        for (int i = 0; i < 2 * pairs; i++) numbers.append(chance(30) ? "#f" : String.valueOf(random.nextInt(9))).append(' ');
+        return numbers.toString();
     }
 
     // ---- wild calls
