@@ -72,7 +72,7 @@ public final class WindwardScheme {
     private static final int ALL_SET = 26; // row, the version before, stamp; note: the one before of this kind
     private static final int MEANING = 27; // literals and rules, what was before; note: symbol and meaning
     // Kinds of cells: what is still to be done.
-    private static final int PATH = 28; // slot of the form with its part at hand, path of the form around, place; note: program
+    private static final int PATH = 28; // slot of the form that waits, its part at hand, height of the values; note: program
     private static final int BODY_FRAME = 29; // row of values, next, environment; note: path
     private static final int HANDLER_FRAME = 30; // handlers to come back to, next
     private static final int PROMPT_FRAME = 31; // handler, next, continuation of the prompt
@@ -89,7 +89,7 @@ public final class WindwardScheme {
 
     // The fields of a cell that name other cells, by kind: 1 the first field, 2 the second, 4 the third, 8 the note.
     private static final byte[] REFERENCES = {
-        0, 0, 0, 1, 0, 0, 3, 0, 2, 0, 7, 1, 0, 3, 3, 7, 15, 1, 3, 1, 2, 11, 3, 3, 3, 3, 11, 3, 2, 15, 3, 7, 7, 3, 3, 7, 7,
+        0, 0, 0, 1, 0, 0, 3, 0, 2, 0, 7, 1, 0, 3, 3, 7, 15, 1, 3, 1, 2, 11, 3, 3, 3, 3, 11, 3, 0, 15, 3, 7, 7, 3, 3, 7, 7,
         15, 3, 3, 7
     };
 
@@ -126,13 +126,15 @@ public final class WindwardScheme {
     private static final int DEPTH_OUT_SHIFT = 14;
     private static final int PLACE_MASK = 2047;
 
-    // The nodes of code, by their first number.
-    private static final int LAMBDA = 1; // twice the parameters and 1 for a rest, the slots of the body
+    // The nodes of code, by their first number. Ahead of slots and nodes are the slot of the form around and which of its
+    // slots this is.
+    private static final int LAMBDA = 1; // twice the parameters and 1 for a rest, two zeros, the slots of the body
     private static final int SET_LOCAL = 2; // variable, slot
     private static final int SET_GLOBAL = 3; // symbol, slot
     private static final int DEFINITION = 4; // symbol, slot
     private static final int SYNTAX = 5; // symbol
     private static final int QUOTE = 6; // where the first pair is
+    private static final int BODY_PLACE = 4; // of the slots in a lambda
     private static final int OFFSET_BITS = 21; // of a place in the code of a program, as far as cells hold it
     private static final int OFFSET_MASK = (1 << 21) - 1;
 
@@ -1338,11 +1340,17 @@ public final class WindwardScheme {
 
         /** Puts a number behind the image that is made; where it is. */
         int emit(int number) {
-            int offset = end;
-            int place = offset >> PAGE_BITS;
-            if (place >= countOfPages(open)) {
+            if (end >> PAGE_BITS >= countOfPages(open)) {
                 addPage();
             }
+            patch(end, number);
+            end++;
+            return end - 1;
+        }
+
+        /** Puts a number in place of another one of the image that is made. */
+        void patch(int offset, int number) {
+            int place = offset >> PAGE_BITS;
             boolean isThere = place >= 0 && place < countOfPages(open) && place + 1 < tables[open].length;
             int page = isThere ? tables[open][place + 1] : -1;
             int at = (offset & PAGE_MASK) >> 1;
@@ -1351,8 +1359,6 @@ public final class WindwardScheme {
                 boolean isLow = (offset & 1) == 0;
                 pages[page][at] = isLow ? old & ~LOW_WORD | number & LOW_WORD : old & LOW_WORD | (long) number << 32;
             }
-            end++;
-            return offset;
         }
 
         private int countOfPages(int program) {
@@ -1714,7 +1720,7 @@ public final class WindwardScheme {
                 case LAMBDA:
                     putWord("(lambda ");
                     startLambda(info >> 1, (info & 1) != 0);
-                    later(FORMS, node + 2);
+                    later(FORMS, node + BODY_PLACE);
                     return;
                 case QUOTE:
                     startQuote(heap.make(QUOTED, 0, info, 0, 0));
@@ -2405,22 +2411,42 @@ public final class WindwardScheme {
         private void closeLevel() {
             int kind = kinds.get(level);
             int first = starts.get(level);
+            int last = slots.used;
             if (level > 0) {
-                int place = store.endOfImage();
+                int place = beginNode();
+                int around = kind & TAG_MASK | place << SLOT_SHIFT;
+                slots.used = first;
                 if ((kind & TAG_MASK) == OTHER) {
                     store.emit(kind >> SLOT_SHIFT);
                     store.emit(infos.get(level));
                 }
-                for (int i = first; i < slots.used; i++) {
-                    store.emit(slots.get(i));
+                if (kind == nodeOf(LAMBDA)) {
+                    around = SEQUENCE | beginNode() << SLOT_SHIFT;
+                }
+                for (int i = first; i < last; i++) {
+                    link(slots.get(i), around, i - first);
                 }
                 store.emit(0);
-                slots.used = first;
                 slots.add(kind & TAG_MASK | place << SLOT_SHIFT);
             }
             lists.put(level, 0);
             scopes.put(level, 0);
             level--;
+        }
+
+        /** Begins with slots or a node: ahead of them is place for what is around them. Where they are. */
+        private int beginNode() {
+            store.emit(0);
+            return store.emit(0) + 1;
+        }
+
+        /** Puts a slot into the image, and tells its node what is around it. */
+        private void link(int slot, int around, int index) {
+            if ((slot & TAG_MASK) <= OTHER) {
+                store.patch((slot >>> SLOT_SHIFT) - 2, around);
+                store.patch((slot >>> SLOT_SHIFT) - 1, index);
+            }
+            store.emit(slot);
         }
 
         /** The next form of the level; 0 if there is none. */
@@ -2524,7 +2550,8 @@ public final class WindwardScheme {
 
         private int syntaxForm(int symbol, int definition) {
             store.setNewRules(program, definition);
-            int place = store.emit(SYNTAX);
+            int place = beginNode();
+            store.emit(SYNTAX);
             store.emit(symbol);
             return OTHER | place << SLOT_SHIFT;
         }
@@ -2576,7 +2603,8 @@ public final class WindwardScheme {
             if ((plain & 1) == 0) {
                 return QUOTATION | plain >>> 1 << SLOT_SHIFT;
             }
-            int place = store.emit(QUOTE);
+            int place = beginNode();
+            store.emit(QUOTE);
             store.emit(plain >>> 1);
             return OTHER | place << SLOT_SHIFT;
         }
@@ -2662,6 +2690,7 @@ public final class WindwardScheme {
         private int ringSize;
         private int ringEnd;
         private int largest; // of what was kept there
+        int latest; // stamp of an episode that may be evaluated again
         private final Row keys;
         private final Row spots;
         private final Row gathered;
@@ -2938,6 +2967,25 @@ public final class WindwardScheme {
             }
         }
 
+        /** The environment of the episodes that a row depends on; 0 if there is none, or if it is a row of a list. */
+        int environmentOf(int row) {
+            int node = row;
+            for (int i = 0; i < MAX_ROW && heap.kindOf(node) == JOINED; i++) {
+                int behind = heap.at(node, NEXT);
+                node = depthOf(behind) > 0 ? behind : heap.at(node, ITEM);
+            }
+            return heap.kindOf(node) == OWN ? heap.at(heap.at(node, ITEM), AROUND) : 0;
+        }
+
+        /** Lets a row that depends on episodes be so deep. */
+        void setDepth(int row, int depth) {
+            if (heap.kindOf(row) == OWN) {
+                heap.put(row, EXTRA, depth);
+            } else if (heap.kindOf(row) == JOINED) {
+                heap.put(row, EXTRA, heap.at(row, EXTRA) & SKIP_MASK | depth << DEPTH_BITS);
+            }
+        }
+
         /** Lets a row that depends on episodes be these values from now on. */
         void makePlain(int row, int items, int count) {
             heap.remake(row, JOINED, count, items, 0);
@@ -3041,6 +3089,7 @@ public final class WindwardScheme {
                         ? heap.make(BEGUN, begun.get(0), begun.get(1), environment, stamp)
                         : heap.make(RESUMED, path, gifts.get(index), environment, stamp);
                 episodes.put(index, episode);
+                latest = Math.max(latest, stamp);
             }
             return episode;
         }
@@ -3358,6 +3407,7 @@ public final class WindwardScheme {
         private static final int NOTE_DEPTH_SHIFT = 12;
         private static final int MOST_NOTE_DEPTH = 2047;
         private static final int MOST_LOOKED = 256;
+        private static final int MAX_PLACES = 2048;
         static final int SEARCH = 3;
 
         private final Heap heap;
@@ -3500,8 +3550,12 @@ public final class WindwardScheme {
         /**
          * Lets the settings of the episode at hand be versions, as it ends. If they are many, they are looked for in the
          * episode, of which the values begin in the stack at a place; but not if it cannot be evaluated again up to its end.
+         * When a body ends, nothing of it is evaluated again, so they may take the place of those that nothing looks at.
          */
-        void commit(int environment, int begin, boolean canBeAgain) {
+        void commit(int environment, int begin, boolean canBeAgain, boolean isEndOfBody) {
+            if (isEndOfBody) {
+                replaceVersions();
+            }
             boolean areMany = canBeAgain && environments.used > MOST_SETTINGS;
             int episode = areMany ? values.lastEpisode(environment) : 0;
             int newDepth = areMany ? 1 + depthAround(environment) : 0;
@@ -3519,6 +3573,36 @@ public final class WindwardScheme {
             }
             forgetSettings();
             isGlobalSet = false;
+        }
+
+        /** Lets settings take the place of versions that no episode looks at; if that can be for all of them, none is left. */
+        private void replaceVersions() {
+            int found = 0;
+            for (int i = 0; i < environments.used && found == i; i++) {
+                found += replaceable(i) == 0 ? 0 : 1;
+            }
+            if (found == environments.used) {
+                for (int i = 0; i < found; i++) {
+                    heap.put(replaceable(i), ITEM, contents.get(i));
+                }
+                forgetSettings();
+            }
+        }
+
+        /** The version of a variable that was set whose value may be another one; 0 if there is none. */
+        private int replaceable(int setting) {
+            int environment = environments.get(setting);
+            int version = newestOf(environment, false);
+            boolean isAlone = countOf(environment) == 1;
+            for (int i = 0; i < MAX_PLACES && isVersion(version) && heap.at(version, STAMP) >= values.latest; i++) {
+                int cellKind = heap.kindOf(version);
+                boolean isOfIt = cellKind == SETTING && heap.noteOf(version) == places.get(setting);
+                if (isOfIt || isAlone && cellKind == ALL_SET) {
+                    return version;
+                }
+                version = cellKind == SETTING ? heap.at(version, NEXT) : 0;
+            }
+            return 0;
         }
 
         /** Lets a setting be a version, or be among those of the episode; 0 is none. */
@@ -3682,9 +3766,7 @@ public final class WindwardScheme {
         }
 
         private int depthAt(int environment) {
-            int version = heap.at(environment, ITEM);
-            int row = isVersion(version) ? heap.at(fullAt(version), ITEM) : version;
-            return Math.max(values.depthOf(row), heap.noteOf(environment) >>> NOTE_DEPTH_SHIFT);
+            return Math.max(values.depthOf(rowOf(environment)), heap.noteOf(environment) >>> NOTE_DEPTH_SHIFT);
         }
 
         /** How many episodes must be evaluated again at most, one for the other, for a variable that is seen here. */
@@ -3698,23 +3780,66 @@ public final class WindwardScheme {
             return deepest;
         }
 
-        /** Whether no variables that are seen here are too deep; otherwise the outermost deep ones are to be filled. */
+        /** Whether no variables that are seen here are too deep; otherwise some are to be filled. */
         boolean areShallow(int environment) {
             int around = environment;
-            int outermost = 0;
-            boolean isDeep = false;
-            int mostDepth = values.mostAtOnce() / 2;
             for (int i = 0; i < MAX_LEVEL && around != 0; i++) {
-                int here = depthAt(around);
-                outermost = here > Math.min(LEAST_DEPTH, mostDepth / 2) ? around : outermost;
-                isDeep = isDeep || here > Math.min(LEAST_DEPTH + Math.min(MORE_DEPTH, countOf(around) / 4), mostDepth);
+                int most = LEAST_DEPTH + Math.min(MORE_DEPTH, countOf(around) / 4);
+                most = Math.min(most, values.mostAtOnce() / 2);
+                if (depthAt(around) > most && !isLessDeep(around, most)) {
+                    return false;
+                }
                 around = heap.at(around, NEXT);
             }
-            isGlobalDue = isGlobalDue || isDeep && depth > Math.min(LEAST_DEPTH, mostDepth / 2);
-            if (isDeep) {
-                fill(outermost);
+            return true;
+        }
+
+        /**
+         * Whether an environment is less deep than was noted, since another one that it depends on has been filled; if not,
+         * one that is half way down is to be filled, so that others that depend on that one are less deep, too.
+         */
+        private boolean isLessDeep(int environment, int most) {
+            filled.used = 0;
+            int source = environment;
+            for (int i = 0; i <= most / 2 && source != 0; i++) {
+                filled.add(source);
+                source = sourceOf(source);
             }
-            return !isDeep;
+            for (int i = filled.used - 2; i >= 0; i--) {
+                values.setDepth(rowOf(filled.get(i)), 1 + depthAround(values.environmentOf(rowOf(filled.get(i)))));
+            }
+            int last = filled.get(filled.used - 1);
+            if (depthAt(environment) <= most) {
+                return true;
+            }
+            isGlobalDue = isGlobalDue || depth > most / 2;
+            fill(depthAt(last) > 0 ? last : environment);
+            return false;
+        }
+
+        /** The row of an environment, or that of the newest version in which all variables are held. */
+        private int rowOf(int environment) {
+            int version = heap.at(environment, ITEM);
+            int cellKind = heap.kindOf(version);
+            for (int i = 0; i < MAX_ROW && (cellKind == SETTING || cellKind == SETTINGS); i++) {
+                version = heap.at(version, NEXT);
+                cellKind = heap.kindOf(version);
+            }
+            return cellKind == ALL_SET ? heap.at(version, ITEM) : version;
+        }
+
+        /** The deepest environment that the row of an environment depends on; 0 if it is not for its row that it is deep. */
+        private int sourceOf(int environment) {
+            int row = rowOf(environment);
+            int deepest = 0;
+            if (values.depthOf(row) > heap.noteOf(environment) >>> NOTE_DEPTH_SHIFT) {
+                int around = values.environmentOf(row);
+                for (int i = 0; i < MAX_LEVEL && around != 0; i++) {
+                    deepest = deepest == 0 || depthAt(around) > depthAt(deepest) ? around : deepest;
+                    around = heap.at(around, NEXT);
+                }
+            }
+            return deepest;
         }
 
         private void fill(int environment) {
@@ -3763,7 +3888,6 @@ public final class WindwardScheme {
         static final int EVALUATE = 0;
         static final int TAKE = 1;
         static final int APPLY = 2;
-        private static final int BASE_SHIFT = 11;
         private static final int MAX_LEVELS = 65536;
         private static final int TASK = 10 + Variables.SEARCH;
         private static final int MOST_TASKS = 600;
@@ -3775,11 +3899,11 @@ public final class WindwardScheme {
         private final Values values;
         private final Variables variables;
         private int program; // that is evaluated
-        // For each form that waits: its slot, with the place of the part at hand in the image; at what height its values
-        // begin; its path, if that was looked for.
+        // For each form that waits: its slot, the place in the image of that of the part at hand, at what height its values
+        // begin.
+        private final Row nodes;
         private final Row cursors;
-        private final Row places;
-        private final Row paths;
+        private final Row heights;
         private int level;
         private int bottom; // the lowest level of what is at hand
         private final Row stack; // used as far as there are values
@@ -3798,9 +3922,9 @@ public final class WindwardScheme {
             this.store = store;
             this.values = values;
             this.variables = variables;
+            nodes = new Row(MAX_LEVEL, MAX_LEVELS);
             cursors = new Row(MAX_LEVEL, MAX_LEVELS);
-            places = new Row(MAX_LEVEL, MAX_LEVELS);
-            paths = heap.newRoots(MAX_LEVEL, MAX_LEVELS);
+            heights = new Row(MAX_LEVEL, MAX_LEVELS);
             stack = values.stack;
             tasks = new Row(0, MAX_LEVELS);
             saved = heap.newRoots(3, 3);
@@ -3841,7 +3965,6 @@ public final class WindwardScheme {
 
         /** Lets the heap see what is in use. */
         void save() {
-            paths.used = level + 1;
             saved.put(0, value);
             saved.put(1, environment);
             saved.put(2, values.wanted);
@@ -3966,22 +4089,20 @@ public final class WindwardScheme {
         /** Lets a form wait for its first part. */
         private void open(int slot, int part) {
             level++;
-            cursors.put(level, slot);
-            places.put(level, height());
-            paths.put(level, 0);
+            nodes.put(level, slot);
+            cursors.put(level, slot >>> SLOT_SHIFT);
+            heights.put(level, height());
             form = part;
         }
 
         /** Takes the value for the form that waits for it; if something is wanted for it, nothing is done. */
         void take() {
-            int slot = cursors.get(level);
-            int place = slot >>> SLOT_SHIFT;
-            paths.put(level, 0);
-            switch (slot & TAG_MASK) {
+            int place = cursors.get(level);
+            switch (nodes.get(level) & TAG_MASK) {
                 case CALL:
                     stack.add(value);
                     if (!isNextBegun(place + 1)) {
-                        start = places.get(level);
+                        start = heights.get(level);
                         level--;
                         mode = APPLY;
                     }
@@ -4013,7 +4134,7 @@ public final class WindwardScheme {
         private boolean isNextBegun(int place) {
             int next = store.word(program, place);
             if (next != 0) {
-                cursors.put(level, place << SLOT_SHIFT | cursors.get(level) & TAG_MASK);
+                cursors.put(level, place);
                 form = next;
                 mode = EVALUATE;
             }
@@ -4051,22 +4172,15 @@ public final class WindwardScheme {
         }
 
         private int pathHere() {
-            int path = 0;
-            for (int i = 0; i <= level; i++) {
-                if (paths.get(i) == 0) {
-                    int base = places.get(i);
-                    int behind = i < level ? places.get(i + 1) : height();
-                    paths.put(i, heap.makeShared(PATH, program, cursors.get(i), path, base << BASE_SHIFT | behind - base));
-                }
-                path = paths.get(i);
-            }
-            return path;
+            int slot = nodes.get(level);
+            return heap.makeShared(PATH, program, slot, cursors.get(level) - (slot >>> SLOT_SHIFT), height());
         }
 
-        /** How many values wait at a path. */
-        private int countAt(int path) {
-            int place = heap.at(path, EXTRA);
-            return (place >> BASE_SHIFT) + (place & PLACE_MASK);
+        /** Whether the image is there in which a path lies; otherwise it is wanted. */
+        boolean canGoTo(int path) {
+            boolean isThere = path == 0 || store.isLoaded(heap.noteOf(path));
+            values.wanted = isThere ? values.wanted : -heap.noteOf(path);
+            return isThere;
         }
 
         /** Goes on with the body of a frame, where the value at hand is waited for. */
@@ -4080,20 +4194,48 @@ public final class WindwardScheme {
 
         /** Lets the forms of a path wait, the innermost one for the value at hand. */
         private void goTo(int path) {
-            below = countAt(path);
             program = heap.noteOf(path);
+            below = heap.at(path, EXTRA);
             level = bottom - 1;
-            for (int cell = path; level < MAX_LEVELS && cell != 0; cell = heap.at(cell, NEXT)) {
-                level++;
+            int slot = heap.at(path, ITEM);
+            int index = heap.at(path, NEXT);
+            int height = below;
+            for (int i = 0; i < MAX_LEVEL && slot != 0; i++) {
+                int place = slot >>> SLOT_SHIFT;
+                if (isWaiting(slot & TAG_MASK, place, index)) {
+                    height -= (slot & TAG_MASK) == CALL ? index : 0;
+                    level++;
+                    nodes.put(level, slot);
+                    cursors.put(level, place + index);
+                    heights.put(level, height);
+                }
+                slot = store.word(program, place - 2);
+                index = store.word(program, place - 1);
             }
-            int at = path;
-            for (int i = level; i >= bottom; i--) {
-                cursors.put(i, heap.at(at, ITEM));
-                places.put(i, heap.at(at, EXTRA) >> BASE_SHIFT);
-                paths.put(i, at);
-                at = heap.at(at, NEXT);
+            for (int i = 0; 2 * i < level - bottom; i++) {
+                swap(nodes, bottom + i, level - i);
+                swap(cursors, bottom + i, level - i);
+                swap(heights, bottom + i, level - i);
             }
             mode = TAKE;
+        }
+
+        private static void swap(Row row, int one, int other) {
+            int number = row.get(one);
+            row.put(one, row.get(other));
+            row.put(other, number);
+        }
+
+        /** Whether a form waits for one of its parts: the last part of a sequence, and what is chosen, take its place. */
+        private boolean isWaiting(int tag, int place, int index) {
+            switch (tag) {
+                case BRANCH:
+                    return index == 0;
+                case SEQUENCE:
+                    return store.word(program, place + index + 1) != 0;
+                default:
+                    return true;
+            }
         }
 
         // ---- episodes that are evaluated again
@@ -4121,7 +4263,9 @@ public final class WindwardScheme {
                     isRight = values.unpack(values.wanted);
                     values.wanted = 0;
                 } else if (values.wanted != 0) {
-                    beginAgain(values.wanted);
+                    if (heap.kindOf(values.wanted) == BEGUN || canGoTo(heap.noteOf(values.wanted))) {
+                        beginAgain(values.wanted);
+                    }
                 } else if (mode > APPLY || mode == APPLY || mode == TAKE && level < bottom) {
                     isRight = variables.remember(stack.get(ground - 1), ground);
                     dropTask();
@@ -4161,9 +4305,7 @@ public final class WindwardScheme {
             stack.add(environment);
             stack.add(episode);
             level++;
-            cursors.put(level, form);
-            places.put(level, 0);
-            paths.put(level, 0);
+            nodes.put(level, form);
             bottom = level + 1;
             ground = stack.used;
             below = 0;
@@ -4186,7 +4328,7 @@ public final class WindwardScheme {
             variables.forgetSettings();
             value = stack.get(ground - CELLS_KEPT);
             environment = stack.get(ground - CELLS_KEPT + 1);
-            form = cursors.get(bottom - 1);
+            form = nodes.get(bottom - 1);
             stack.used = ground - CELLS_KEPT;
             int task = tasks.used - TASK;
             level = tasks.get(task);
@@ -4314,7 +4456,7 @@ public final class WindwardScheme {
         /** Gives up what there was of an earlier run. */
         void stop() {
             tallies[ABANDONED] += countOfWinds();
-            variables.commit(body.environment, values.beginOfLast() - body.below, true);
+            variables.commit(body.environment, values.beginOfLast() - body.below, true, false);
             giveUp();
             save();
         }
@@ -4354,15 +4496,15 @@ public final class WindwardScheme {
                     body.evaluate();
                 } else if (hasRoom && body.mode == Body.TAKE && !body.isDone()) {
                     body.take();
-                } else if (hasRoom && body.mode == Body.TAKE) {
-                    variables.commit(body.environment, values.beginOfLast() - body.below, true);
+                } else if (hasRoom && body.mode == Body.TAKE && canGoOn()) {
+                    variables.commit(body.environment, values.beginOfLast() - body.below, true, true);
                     if (frames == 0) {
                         finish();
                     } else {
                         giveToFrame(frames);
                     }
-                } else if (hasRoom && isReady()) {
-                    variables.commit(body.environment, values.beginOfLast() - body.below, true);
+                } else if (hasRoom && body.mode == Body.APPLY && isReady() && (!isLeft() || variables.areShallow(body.environment))) {
+                    variables.commit(body.environment, values.beginOfLast() - body.below, true, false);
                     fuel--;
                     tallies[APPLICATIONS]++;
                     tallies[APPLICATIONS_OF_RUN]++;
@@ -4385,7 +4527,7 @@ public final class WindwardScheme {
                     }
                 }
                 if (!hasRoom || body.mode > Body.APPLY) {
-                    variables.commit(body.environment, values.beginOfLast() - body.below, hasRoom);
+                    variables.commit(body.environment, values.beginOfLast() - body.below, hasRoom, false);
                     fail(hasRoom ? (char) body.mode : 'o');
                 }
             }
@@ -4398,7 +4540,7 @@ public final class WindwardScheme {
             values.wanted = 0;
             if (!isThere) {
                 body.dropTasks();
-                variables.commit(body.environment, values.beginOfLast() - body.below, false);
+                variables.commit(body.environment, values.beginOfLast() - body.below, false, false);
                 fail('o');
             }
         }
@@ -4463,6 +4605,11 @@ public final class WindwardScheme {
 
         // ---- frames
 
+        /** Whether all is at hand to go on with what is still to be done. */
+        private boolean canGoOn() {
+            return heap.kindOf(frames) != BODY_FRAME || body.canGoTo(heap.noteOf(frames));
+        }
+
         private void giveToFrame(int frame) {
             frames = heap.at(frame, NEXT);
             int subject = heap.at(frame, ITEM);
@@ -4519,15 +4666,14 @@ public final class WindwardScheme {
         }
 
         /**
-         * Whether all is at hand that the application needs, and nothing around is too deep; otherwise an episode is wanted,
-         * or variables are to be filled. What was found is not looked for again.
+         * Whether all is at hand that the application needs; otherwise something is wanted. What was found is not looked for
+         * again.
          */
         private boolean isReady() {
             int procedure = found > 0 ? arguments.get(PROCEDURE) : body.valueAt(body.start);
             int symbol = heap.kindOf(procedure) == PRIMITIVE ? heap.at(procedure, AMOUNT) : 0;
             int count = argumentCount();
-            boolean isLeft = symbol == 0 || symbol >= FIRST_CONTROL && symbol != NOT_SYMBOL;
-            if (procedure == 0 || values.wanted != 0 || isLeft && !variables.areShallow(body.environment)) {
+            if (procedure == 0 || values.wanted != 0) {
                 return false;
             }
             arguments.put(PROCEDURE, procedure);
@@ -4552,6 +4698,13 @@ public final class WindwardScheme {
                 arguments.put(LENGTH, values.lengthOf(arguments.get(1)));
             }
             return values.wanted == 0;
+        }
+
+        /** Whether the body is left for the application. */
+        private boolean isLeft() {
+            int procedure = arguments.get(PROCEDURE);
+            int symbol = heap.at(procedure, AMOUNT);
+            return heap.kindOf(procedure) != PRIMITIVE || symbol >= FIRST_CONTROL && symbol != NOT_SYMBOL;
         }
 
         private static int argumentsOf(int symbol) {
@@ -4624,7 +4777,7 @@ public final class WindwardScheme {
         private void goInto(int procedure) {
             if (due == ENTERING) {
                 int address = heap.at(procedure, CODE);
-                int slots = (address & OFFSET_MASK) + 2;
+                int slots = (address & OFFSET_MASK) + BODY_PLACE;
                 body.startWith(address >>> OFFSET_BITS, SEQUENCE | slots << SLOT_SHIFT, inner);
             } else {
                 control(due, arguments.get(0), arguments.get(1), arguments.get(2));
