@@ -69,28 +69,32 @@ public final class WindwardScheme {
     private static final int ENVIRONMENT = 23; // row or version, the environment around, variables; note: versions and depth
     private static final int SETTING = 24; // value, the version before, stamp; note: place
     private static final int SETTINGS = 25; // episode, the version before, stamp; note: mask of places
-    private static final int ALL_SET = 26; // row, the version before, stamp; note: the one before of this kind
-    private static final int MEANING = 27; // literals and rules, what was before; note: symbol and meaning
+    private static final int GROUPED = 26; // its newest settings in a group, the version before, stamp; note: the group
+    private static final int ALL_SET = 27; // row, the version before, stamp; note: the one before of this kind
+    private static final int GROUP = 28; // the newest settings of some environments
+    private static final int GROUP_SETTINGS = 29; // episode, the settings before, stamp; note: mask of variables
+    private static final int MEANING = 30; // literals and rules, what was before; note: symbol and meaning
     // Kinds of cells: what is still to be done.
-    private static final int PATH = 28; // slot of the form that waits, its part at hand, height of the values; note: program
-    private static final int BODY_FRAME = 29; // row of values, next, environment; note: path
-    private static final int HANDLER_FRAME = 30; // handlers to come back to, next
-    private static final int PROMPT_FRAME = 31; // handler, next, continuation of the prompt
-    private static final int BEFORE_FRAME = 32; // wind, next, during
-    private static final int DURING_FRAME = 33; // wind, next
-    private static final int AFTER_FRAME = 34; // value, next
-    private static final int JUMP_FRAME = 35; // goal, next, innermost wind that stays
-    private static final int ENTER_FRAME = 36; // goal, next, wind to be entered
+    private static final int PATH = 31; // slot of the form that waits, its part at hand, height of the values; note: program
+    private static final int BODY_FRAME = 32; // row of values, next, environment; note: path
+    private static final int HANDLER_FRAME = 33; // handlers to come back to, next
+    private static final int PROMPT_FRAME = 34; // handler, next, continuation of the prompt
+    private static final int BEFORE_FRAME = 35; // wind, next, during
+    private static final int DURING_FRAME = 36; // wind, next
+    private static final int AFTER_FRAME = 37; // value, next
+    private static final int JUMP_FRAME = 38; // goal, next, innermost wind that stays
+    private static final int ENTER_FRAME = 39; // goal, next, wind to be entered
     // Kinds of cells: what frames and registers hold.
-    private static final int WIND = 37; // thunks, the wind around it, handlers; note: a wind further out
-    private static final int THUNKS = 38; // before, after, how many winds there are with it
-    private static final int HANDLER = 39; // procedure, the handler around it, how many handlers there are with it
-    private static final int GOAL = 40; // continuation, value, procedure that takes it or 0
+    private static final int WIND = 40; // thunks, the wind around it, handlers; note: a wind further out
+    private static final int THUNKS = 41; // before, after, how many winds there are with it
+    private static final int HANDLER = 42; // procedure, the handler around it, how many handlers there are with it
+    private static final int GOAL = 43; // continuation, value, procedure that takes it or 0
 
-    // The fields of a cell that name other cells, by kind: 1 the first field, 2 the second, 4 the third, 8 the note.
+    // The fields of a cell that name other cells, by kind: 1 the first field, 2 the second, 4 the third, 8 the note. What is
+    // before ALL_SET and GROUP_SETTINGS is not among them: see Heap.
     private static final byte[] REFERENCES = {
-        0, 0, 0, 1, 0, 0, 3, 0, 2, 0, 7, 1, 0, 3, 3, 7, 15, 1, 3, 1, 2, 11, 3, 3, 3, 3, 11, 3, 0, 15, 3, 7, 7, 3, 3, 7, 7,
-        15, 3, 3, 7
+        0, 0, 0, 1, 0, 0, 3, 0, 2, 0, 7, 1, 0, 3, 3, 7, 15, 1, 3, 1, 2, 11, 3, 3, 3, 3, 11, 1, 1, 1, 3, 0, 15, 3, 7, 7, 3, 3,
+        7, 7, 15, 3, 3, 7
     };
 
     // The fields of cells, by the names that fit their kinds.
@@ -573,15 +577,16 @@ public final class WindwardScheme {
         private int[] stack;
         private int stacked;
         private boolean isStackShort;
+        private boolean hasVersions;
+        private int oldest; // stamp of an episode that may look at versions
+        private int joined; // stamp of the oldest member of a group of environments
         private int free;
         int freeCells;
         private int made;
         private int due;
         private int live;
         int collections;
-        // No episode is evaluated again that began ahead of this stamp; and none of those at hand began ahead of the other.
-        private int floor;
-        int young;
+        int young; // no episode of the body at hand began ahead of this stamp
 
         Heap() {
             chunks = new long[MAX_CHUNKS][];
@@ -764,6 +769,9 @@ public final class WindwardScheme {
         private void collect() {
             stacked = 0;
             isStackShort = false;
+            hasVersions = false;
+            oldest = Integer.MAX_VALUE;
+            joined = Integer.MAX_VALUE;
             stack = stack == null ? new int[MAX_STACK] : stack;
             for (int i = 0; i < rootCount && i < roots.length; i++) {
                 for (int j = 0; roots[i] != null && j < roots[i].used; j++) {
@@ -771,12 +779,15 @@ public final class WindwardScheme {
                 }
                 scanStacked();
             }
-            for (int i = 0; i < MAX_CELLS && isStackShort; i++) {
-                isStackShort = false;
+            scanGray();
+            for (int i = 0; i < MAX_CELLS && hasVersions && areOlderSeen(); i++) {
+                scanHidden();
                 scanGray();
             }
+            if (hasVersions) {
+                cutVersions();
+            }
             forgetUnmarked();
-            floor = young;
             sweep();
             made = 0;
             due = Math.max(MIN_DUE, live / 2);
@@ -811,11 +822,10 @@ public final class WindwardScheme {
                 int head = at(cell, HEAD);
                 int cellKind = head & KIND_MASK;
                 int fields = cellKind < REFERENCES.length ? REFERENCES[cellKind] : 0;
-                if (cellKind == ALL_SET && at(cell, STAMP) < floor) {
-                    // What the variables were before is not looked for any more.
-                    head &= (1 << NOTE_SHIFT) - 1;
-                    put(cell, HEAD, head);
-                    put(cell, NEXT, 0);
+                if (cellKind == ALL_SET || cellKind == GROUP_SETTINGS) {
+                    hasVersions = true;
+                    boolean isSeen = cellKind == ALL_SET ? at(cell, STAMP) >= oldest : at(at(cell, NEXT), STAMP) > joined;
+                    shade(isSeen ? at(cell, NEXT) : 0);
                 }
                 // The next one of a row is taken from the stack behind the others: so a long row needs little of it.
                 if ((fields & 8) != 0) {
@@ -832,12 +842,65 @@ public final class WindwardScheme {
 
         /** Scans the cells for which there was no place on the stack. */
         private void scanGray() {
+            for (int i = 0; i < MAX_CELLS && isStackShort; i++) {
+                isStackShort = false;
+                for (int cell = 1; cell < chunkCount * CHUNK_CELLS; cell++) {
+                    if ((at(cell, HEAD) & GRAY) != 0 && stack != null && stack.length > 0) {
+                        put(cell, HEAD, at(cell, HEAD) & ~GRAY);
+                        stack[0] = cell;
+                        stacked = 1;
+                        scanStacked();
+                    }
+                }
+            }
+        }
+
+        /** Whether what a version was before can be looked at by an episode, or what settings were before by a member. */
+        private boolean isBeforeSeen(int cell, int cellKind) {
+            return cellKind == ALL_SET ? at(cell, STAMP) >= oldest : at(at(cell, NEXT), STAMP) > joined;
+        }
+
+        /** Whether this is a version, or settings of a group, with others before it that are not marked. */
+        private boolean hasHidden(int cell) {
+            int head = at(cell, HEAD);
+            int cellKind = head & KIND_MASK;
+            boolean isOfKind = cellKind == ALL_SET || cellKind == GROUP_SETTINGS;
+            return isOfKind && (head & MARKED) != 0 && at(cell, NEXT) != 0 && (at(at(cell, NEXT), HEAD) & MARKED) == 0;
+        }
+
+        /** Looks for the oldest episode and member that are marked; whether they are older than those that were found before. */
+        private boolean areOlderSeen() {
+            int oldestBefore = oldest;
+            int joinedBefore = joined;
+            oldest = Math.min(oldest, young);
             for (int cell = 1; cell < chunkCount * CHUNK_CELLS; cell++) {
-                if ((at(cell, HEAD) & GRAY) != 0 && stack != null && stack.length > 0) {
-                    put(cell, HEAD, at(cell, HEAD) & ~GRAY);
-                    stack[0] = cell;
-                    stacked = 1;
+                int head = at(cell, HEAD);
+                int cellKind = (head & MARKED) == 0 ? FREE : head & KIND_MASK;
+                oldest = cellKind == BEGUN || cellKind == RESUMED ? Math.min(oldest, at(cell, STAMP)) : oldest;
+                joined = cellKind == GROUPED ? Math.min(joined, at(cell, STAMP)) : joined;
+            }
+            return oldest < oldestBefore || joined < joinedBefore;
+        }
+
+        /** Marks what versions and settings were before, as far as it can be looked at. */
+        private void scanHidden() {
+            for (int cell = 1; cell < chunkCount * CHUNK_CELLS; cell++) {
+                if (hasHidden(cell) && isBeforeSeen(cell, kindOf(cell))) {
+                    shade(at(cell, NEXT));
                     scanStacked();
+                }
+            }
+        }
+
+        /** Lets nothing be before versions and settings that is not marked. */
+        private void cutVersions() {
+            for (int cell = 1; cell < chunkCount * CHUNK_CELLS; cell++) {
+                if (hasHidden(cell)) {
+                    put(cell, NEXT, 0);
+                }
+                boolean isFull = kindOf(cell) == ALL_SET && (at(cell, HEAD) & MARKED) != 0;
+                if (isFull && (at(noteOf(cell), HEAD) & MARKED) == 0) {
+                    setNote(cell, 0);
                 }
             }
         }
@@ -862,10 +925,6 @@ public final class WindwardScheme {
                 if ((head & (MARKED | KEPT)) != 0) {
                     put(cell, HEAD, head & ~MARKED);
                     live++;
-                    int cellKind = head & KIND_MASK;
-                    if (cellKind == BEGUN || cellKind == RESUMED) {
-                        floor = Math.min(floor, at(cell, STAMP));
-                    }
                 } else {
                     put(cell, HEAD, FREE);
                     put(cell, ITEM, free);
