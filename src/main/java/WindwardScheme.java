@@ -3445,6 +3445,9 @@ public final class WindwardScheme {
      * look back: a SETTING of one variable; the SETTINGS of an episode, if there are more; or ALL_SET, the values of all
      * variables. The newest version stands in place of the row in the environment, and each one knows the one before; its
      * stamp is that of the episode that set it. The global variables are an environment, too, 0.
+     *
+     * <p>Environments of which variables are set together again and again are a group: an episode makes one cell for all of
+     * them, GROUP_SETTINGS, and GROUPED is the version of each one. What it was before it came to the group is before that.
      */
     private static final class Variables {
         static final int NOW = Integer.MAX_VALUE;
@@ -3467,7 +3470,9 @@ public final class WindwardScheme {
         private static final int MOST_NOTE_DEPTH = 2047;
         private static final int MOST_LOOKED = 256;
         private static final int MAX_PLACES = 2048;
-        static final int SEARCH = 3;
+        private static final int FEW_TOGETHER = 3; // environments that become a group
+        private static final int MEMO = 4;
+        static final int SEARCH = 4;
 
         private final Heap heap;
         private final Store store;
@@ -3490,7 +3495,7 @@ public final class WindwardScheme {
         // Where the version of an environment was found last.
         private final Row memos;
         private int memoCollections;
-        // How far a variable was looked for when an episode was wanted: its environment, its place, the version.
+        // How far a variable was looked for when an episode was wanted: its environment, its place, the version, its group.
         final Row search;
 
         Variables(Heap heap, Store store, Values values) {
@@ -3505,7 +3510,7 @@ public final class WindwardScheme {
             heads = new Row(16, HEADS);
             newest = heap.newRoots(1, 1);
             filled = heap.newRoots(16, MAX_SIZE);
-            memos = new Row(3 * MEMOS, 3 * MEMOS);
+            memos = new Row(MEMO * MEMOS, MEMO * MEMOS);
             search = new Row(SEARCH, SEARCH);
             environments.used = 0;
             contents.used = 0;
@@ -3618,14 +3623,18 @@ public final class WindwardScheme {
             boolean areMany = canBeAgain && environments.used > MOST_SETTINGS;
             int episode = areMany ? values.lastEpisode(environment) : 0;
             int newDepth = areMany ? 1 + depthAround(environment) : 0;
+            int repeated = 0;
             for (int i = 0; i < environments.used; i++) {
-                addVersion(i, episode, newDepth);
+                repeated += addVersion(i, episode, newDepth) ? 1 : 0;
+            }
+            if (repeated >= FEW_TOGETHER) {
+                joinGroup();
             }
             if (areMany) {
                 remember(episode, begin);
             }
             if (length > MOST_GLOBAL || isGlobalDue) {
-                hold(newest.get(0), globalRow());
+                hold(0, globalRow());
                 length = 0;
                 depth = 0;
                 isGlobalDue = false;
@@ -3664,25 +3673,79 @@ public final class WindwardScheme {
             return 0;
         }
 
-        /** Lets a setting be a version, or be among those of the episode; 0 is none. */
-        private void addVersion(int setting, int episode, int newDepth) {
+        /** Lets a setting be a version, or be among those of the episode; 0 is none. Whether others were so the last time. */
+        private boolean addVersion(int setting, int episode, int newDepth) {
             int target = environments.get(setting);
             int place = places.get(setting);
             int stamp = values.lastStamp();
             int before = newestOf(target, true);
             int bit = 1 << place % MASK_BITS;
             boolean isAlone = countOf(target) == 1;
+            if (episode != 0 && heap.kindOf(before) == GROUPED) {
+                int settings = groupSettings(heap.noteOf(before), episode, stamp);
+                heap.setNote(settings, heap.noteOf(settings) | 1 << bitOf(target, place));
+                if (heap.at(before, ITEM) != settings) {
+                    heap.put(before, ITEM, settings);
+                    note(target, true, newDepth);
+                }
+                return false;
+            }
             if (heap.kindOf(before) == SETTINGS && heap.at(before, STAMP) == stamp) {
                 heap.setNote(before, heap.noteOf(before) | bit);
-            } else if (episode == 0 && isAlone) {
+                return false;
+            }
+            if (episode == 0 && isAlone) {
                 setNewest(target, heap.make(ALL_SET, fullAt(before), contents.get(setting), before, stamp));
-            } else {
-                setNewest(target, episode == 0
-                        ? heap.make(SETTING, place, contents.get(setting), before, stamp)
-                        : heap.make(SETTINGS, bit, episode, before, stamp));
-                note(target, episode != 0, newDepth);
+                return false;
+            }
+            setNewest(target, episode == 0
+                    ? heap.make(SETTING, place, contents.get(setting), before, stamp)
+                    : heap.make(SETTINGS, bit, episode, before, stamp));
+            note(target, episode != 0, newDepth);
+            return episode != 0 && target != 0 && heap.kindOf(before) == SETTINGS;
+        }
+
+        // ---- groups
+
+        private static int bitOf(int environment, int place) {
+            return ((environment * 31 + place) * 0x9E3779B1 >>> 1) % MASK_BITS;
+        }
+
+        /** The settings of a group in an episode; they are made if they are the first ones in it. */
+        private int groupSettings(int group, int episode, int stamp) {
+            int settings = heap.at(group, ITEM);
+            if (settings == 0 || heap.at(settings, STAMP) != stamp) {
+                settings = heap.make(GROUP_SETTINGS, 0, episode, settings, stamp);
+                heap.put(group, ITEM, settings);
+            }
+            return settings;
+        }
+
+        /** Lets the environments be in a group that were set in the episode at hand, and in another one the last time. */
+        private void joinGroup() {
+            int stamp = values.lastStamp();
+            int group = 0;
+            for (int i = 0; i < environments.used && group == 0; i++) {
+                int version = newestOf(environments.get(i), false);
+                group = heap.kindOf(version) == GROUPED ? heap.noteOf(version) : 0;
+            }
+            group = group == 0 ? heap.make(GROUP, 0, 0, 0, 0) : group;
+            for (int i = 0; i < environments.used; i++) {
+                int version = newestOf(environments.get(i), false);
+                boolean isRepeated = heap.kindOf(version) == SETTINGS && heap.kindOf(heap.at(version, NEXT)) == SETTINGS;
+                if (environments.get(i) != 0 && isRepeated) {
+                    setNewest(environments.get(i), heap.make(GROUPED, group, 0, version, stamp));
+                }
             }
         }
+
+        /** Settings of a group, if they came behind a member of it; otherwise what that was before. */
+        private int settingsOrBefore(int settings, int member) {
+            boolean isOfMember = settings != 0 && heap.at(settings, STAMP) > heap.at(member, STAMP);
+            return isOfMember ? settings : heap.at(member, NEXT);
+        }
+
+        // ---- versions
 
         private boolean isVersion(int cell) {
             int cellKind = heap.kindOf(cell);
@@ -3721,14 +3784,20 @@ public final class WindwardScheme {
             int versions = Math.min(LENGTH_MASK, (noted & LENGTH_MASK) + weight);
             int deepest = Math.min(MOST_NOTE_DEPTH, Math.max(noted >>> NOTE_DEPTH_SHIFT, newDepth));
             heap.setNote(environment, versions | deepest << NOTE_DEPTH_SHIFT);
-            if (versions > most) {
+            if (versions > (heap.kindOf(newestOf(environment, false)) == GROUPED ? Math.max(most, MORE_EPISODES) : most)) {
                 fill(environment);
             }
         }
 
-        /** Lets a version hold all variables. */
-        private void hold(int version, int row) {
-            heap.remake(version, ALL_SET, fullAt(heap.at(version, NEXT)), row, heap.at(version, NEXT));
+        /** Lets the newest version hold all variables; a group is left for that. */
+        private void hold(int environment, int row) {
+            int version = newestOf(environment, false);
+            if (heap.kindOf(version) == GROUPED) {
+                int stamp = Math.max(heap.at(version, STAMP), heap.at(heap.at(version, ITEM), STAMP));
+                setNewest(environment, heap.make(ALL_SET, fullAt(version), row, version, stamp));
+            } else {
+                heap.remake(version, ALL_SET, fullAt(heap.at(version, NEXT)), row, heap.at(version, NEXT));
+            }
         }
 
         /** The version in which all variables are held that is the newest one, from one on. */
@@ -3768,9 +3837,11 @@ public final class WindwardScheme {
                 return values.look(version, place);
             }
             boolean isBegun = search.get(2) != 0 && search.get(0) == environment && search.get(1) == place;
-            version = isBegun ? search.get(2) : time == NOW ? version : versionThen(environment, version);
+            int memo = isBegun || time == NOW ? 0 : memoThen(environment, version);
+            int member = isBegun ? search.get(3) : time == NOW ? 0 : memos.get(memo + 3);
+            version = isBegun ? search.get(2) : time == NOW ? version : memos.get(memo + 2);
             search.put(2, 0);
-            for (int i = 0; i < MAX_ROW && version != 0; i++) {
+            for (int i = 0; i < MAX_STEPS && version != 0; i++) {
                 int cellKind = heap.kindOf(version);
                 if (cellKind == ALL_SET) {
                     return values.look(heap.at(version, ITEM), place);
@@ -3778,40 +3849,56 @@ public final class WindwardScheme {
                 if (cellKind == SETTING && heap.noteOf(version) == place) {
                     return heap.at(version, ITEM);
                 }
-                if (cellKind == SETTINGS && (heap.noteOf(version) >> place % MASK_BITS & 1) != 0) {
+                int bit = cellKind == SETTINGS ? place % MASK_BITS : bitOf(environment, place);
+                boolean isOfEpisode = cellKind == SETTINGS || cellKind == GROUP_SETTINGS;
+                if (isOfEpisode && (heap.noteOf(version) >> bit & 1) != 0) {
                     int found = values.settingOf(heap.at(version, ITEM), environment, place);
                     if (values.wanted != 0) {
                         search.put(0, environment);
                         search.put(1, place);
                         search.put(2, version);
+                        search.put(3, member);
                     }
                     if (found != Values.NONE) {
                         return found;
                     }
                 }
-                version = heap.at(version, NEXT);
+                member = cellKind == GROUPED ? version : member;
+                int before = heap.at(version, cellKind == GROUPED ? ITEM : NEXT);
+                boolean isInGroup = cellKind == GROUPED || cellKind == GROUP_SETTINGS;
+                version = isInGroup ? settingsOrBefore(before, member) : before;
             }
             return 0;
         }
 
-        /** The newest version of an environment when the episode began that is evaluated again. */
-        private int versionThen(int environment, int newestVersion) {
+        /** Where the newest version is noted, and its group, of when the episode began that is evaluated again. */
+        private int memoThen(int environment, int newestVersion) {
             if (memoCollections != heap.collections) {
                 memos.fillWithZeros();
                 memoCollections = heap.collections;
             }
-            int memo = 3 * (environment * 0x9E3779B1 >>> MEMO_SHIFT);
+            int memo = MEMO * (environment * 0x9E3779B1 >>> MEMO_SHIFT);
             boolean isKnown = memos.get(memo) == environment + 1 && time <= memos.get(memo + 1);
             int version = isKnown ? memos.get(memo + 2) : newestVersion;
-            for (int i = 0; i < MAX_STEPS && version != 0 && heap.at(version, STAMP) >= time; i++) {
-                int further = heap.kindOf(version) == ALL_SET ? heap.noteOf(version) : 0;
+            int member = isKnown ? memos.get(memo + 3) : 0;
+            for (int i = 0; i < MAX_STEPS && version != 0; i++) {
+                int cellKind = heap.kindOf(version);
+                boolean isLater = heap.at(version, STAMP) >= time;
+                if (!isLater && cellKind != GROUPED) {
+                    break;
+                }
+                int further = cellKind == ALL_SET ? heap.noteOf(version) : 0;
                 boolean isFar = further != 0 && heap.at(further, STAMP) >= time;
-                version = isFar ? further : heap.at(version, NEXT);
+                int before = heap.at(version, isLater ? NEXT : ITEM);
+                member = cellKind == GROUPED ? version : member;
+                boolean isInGroup = cellKind == GROUP_SETTINGS || !isLater;
+                version = isFar ? further : isInGroup ? settingsOrBefore(before, member) : before;
             }
             memos.put(memo, environment + 1);
             memos.put(memo + 1, time);
             memos.put(memo + 2, version);
-            return version;
+            memos.put(memo + 3, member);
+            return memo;
         }
 
         // ---- how deep the variables are
@@ -3880,7 +3967,7 @@ public final class WindwardScheme {
         private int rowOf(int environment) {
             int version = heap.at(environment, ITEM);
             int cellKind = heap.kindOf(version);
-            for (int i = 0; i < MAX_ROW && (cellKind == SETTING || cellKind == SETTINGS); i++) {
+            for (int i = 0; i < MAX_ROW && cellKind >= SETTING && cellKind <= GROUPED; i++) {
                 version = heap.at(version, NEXT);
                 cellKind = heap.kindOf(version);
             }
@@ -3928,7 +4015,7 @@ public final class WindwardScheme {
             if (isOfRow) {
                 values.makePlain(row, plain, count);
             } else if (full != 0) {
-                hold(version, plain);
+                hold(filling, plain);
                 heap.setNote(filling, 0);
             }
             filling = isDone ? 0 : filling;

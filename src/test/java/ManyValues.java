@@ -354,6 +354,15 @@ public final class ManyValues {
         endless("global variables in any order by set", globals);
         endless("variables of several levels", "(s3 s59 0)", "(s4 s59 ((s2 (s31) ((s2 (s32) ((s2 (s33) ((s2 (s34) (s2 () (s4 s31 (s2 () 1)) (s4 s32 (s2 () 2)) "
                 + "(s4 s33 (s2 () 3)) (s4 s34 (s2 () 4)) (s10 s31 s32 s33 s34 (s59)))) 4)) 3)) 2)) 1))", "(s59)");
+        StringBuilder open = new StringBuilder();
+        StringBuilder close = new StringBuilder();
+        for (int i = 0; i < 20; i++) {
+            open.append("((s2 (s").append(30 + i).append(") ");
+            close.append(") ").append(i).append(")");
+        }
+        endless("variables of 20 levels", "(s3 s59 0)", "(s4 s59 " + open + "(s2 () " + symbols(30, 20, "(s4 s%d (s2 () s%d))") + "(s10 "
+                + symbols(30, 20, "s%d") + " (s59)))" + close + ")", "(s59)");
+        settingsOnTheWayBack();
         for (int parts : new int[] {10, 50}) {
             endless(8 * parts + " variables in any order by call", NAMES, "(s6 s51 () ((s8 (s31 s32) (s33 s34) s7) (s3 s59 (s2 (s31 s33 s7 s32 s34 s7) "
                     + "(s5 (s1 s31 (s59 s32 s34 s7 s31 s33 s7) (s59 s33 s7 s31 s32 s34 s7)) s31)))))", "(s50 (" + symbols(1, parts, "%d") + ") ())",
@@ -369,6 +378,18 @@ public final class ManyValues {
         String large = "(s6 s52 () ((s8 s30) s30) ((s8 s30 s31 s7) (s53 " + times(15, "s31 s7") + ")))";
         endless("a list of 900 parts", "(s3 s53 (s2 s31 s31))", large, "(s3 s54 (s52 0 " + symbols(1, 60, "%d") + "))",
                 "(s3 s55 (s2 (s30 . s31) (s10 1 (s24 s55 (s16 (s10 s30 1) s31)))))", "(s24 s55 s54)");
+    }
+
+    /** A thousand frames are come back to again and again, each sets variables, while many values wait further out. */
+    private static void settingsOnTheWayBack() throws IllegalAccessException {
+        WindwardScheme x = new WindwardScheme();
+        String[] programs = {"(s3 s51 0)", "(s3 s40 0)", "(s3 s41 0)", "(s3 s53 (s2 s31 s31))",
+            "(s3 s50 (s2 (s31 s32 s33) (s1 (s14 s31 1000) (s5 (s50 (s10 s31 1) s32 s33) (s4 s32 s31) (s4 s40 s32)) (s22 (s2 (s32) (s4 s51 s32))))))"};
+        for (String program : programs) due(program, finish(x, program), 'v');
+        x.begin(lay(x, "(s53 " + symbols(1, 30, "%d") + " (s5 (s50 0 1 2) (s4 s41 (s10 s41 1)) (s51 s41)))"));
+        for (int i = 0; i < 40; i++) due("settings on the way back " + i, x.run(500), 'r');
+        due("jumps", x.jumps() > 7000, true);
+        RoomTests.room("settings on the way back", x, 1000000);
     }
 
     /** What comes out is what comes out of PlainScheme. */

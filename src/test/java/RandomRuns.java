@@ -13,7 +13,7 @@ import java.util.Random;
 public final class RandomRuns {
     private static final Map<String, Method> METHODS = new HashMap<>();
 
-    private static final int KINDS = 9;
+    private static final int KINDS = 10;
 
     private final Random random;
     private final WindwardScheme tested = new WindwardScheme();
@@ -172,6 +172,7 @@ public final class RandomRuns {
                 else if (kind == 6) deepProgram();
                 else if (kind == 7) keptProgram(i);
                 else if (kind == 8) manyVariables(i);
+                else if (kind == 9) levels(i);
                 else program(kind == 1);
             }
         } catch (TooMuch e) {
@@ -888,6 +889,54 @@ public final class RandomRuns {
         StringBuilder numbers = new StringBuilder();
         for (int i = 0; i < 2 * pairs; i++) numbers.append(chance(30) ? "#f" : String.valueOf(random.nextInt(9))).append(' ');
         return numbers.toString();
+    }
+
+    // ---- variables of procedures within procedures, which the innermost one sets while its calls wait
+
+    private int levelCount;
+
+    private String levelNames() {
+        StringBuilder names = new StringBuilder();
+        for (int i = 0; i < levelCount; i++) if (chance(60)) names.append(" s").append(41 + i);
+        return names + " s39";
+    }
+
+    private String levelSettings() {
+        StringBuilder settings = new StringBuilder();
+        boolean areAll = chance(50);
+        for (int i = 0; i < levelCount; i++) {
+            if (!areAll && chance(50)) continue;
+            String name = "s" + (41 + i);
+            String other = "s" + (41 + random.nextInt(levelCount));
+            settings.append("(set ").append(name).append(" ").append(pick(other, other, other, "(s16 s59 ())".replace("()", "(quote ())"),
+                    "(lambda () " + other + ")", "s59", "(if " + other + " " + name + " s59)")).append(") ");
+        }
+        if (chance(30)) settings.append("(set s39 s41) ");
+        return settings.toString();
+    }
+
+    private void levels(int number) throws Exception {
+        if (number == 0) {
+            lay1("(define s34 (lambda s47 s47))");
+            lay1("(define s31 (lambda (s41) s41))");
+            lay1("(define s39 0)");
+            lay1("(define s38 #f)");
+        } else if (chance(40)) {
+            runProgram(pick("(s31 " + number + ")", "(s38 " + random.nextInt(20) + ")", "(s24 s34 (s38 " + (5 + random.nextInt(15)) + "))"));
+            return;
+        }
+        levelCount = 1 + random.nextInt(9);
+        String kept = chance(50) ? "(if (s15 s59 " + (10 + random.nextInt(10)) + ") (s22 (lambda (s57) (begin (set s31 s57) 1))) 2) " : "";
+        String again = "(s38 (s10 s59 1))";
+        String wait = pick("(s34" + levelNames() + " " + kept + again + levelNames() + ")", "(begin " + again + " " + kept + levelSettings() + "(s34" + levelNames() + "))",
+                "(s17 (s18 (s34" + levelNames() + " " + kept + again + ")))", "(begin " + kept + levelSettings() + again + ")");
+        StringBuilder program = new StringBuilder("(set s38 ");
+        for (int i = 0; i < levelCount; i++) program.append("((lambda (s").append(41 + i).append(chance(20) ? " . s58) " : ") ");
+        program.append("(lambda (s59) (if (s14 s59 20) (begin ").append(levelSettings()).append("(s25 1) ").append(levelSettings()).append(wait)
+                .append(") (s34").append(levelNames()).append(")))");
+        for (int i = levelCount; i > 0; i--) program.append(") ").append(i % 3 == 0 ? "#f" : String.valueOf(i)).append(")");
+        runProgram(program + ")");
+        runProgram("(s38 " + random.nextInt(20) + ")");
     }
 
     // ---- wild calls

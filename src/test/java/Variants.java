@@ -30,6 +30,10 @@ public final class Variants {
                 "LEAST_LENGTH = 4;", "LEAST_LENGTH = 1;", "MOST_GLOBAL = 24;", "MOST_GLOBAL = 2;", "MOST_SETTINGS = 2;", "MOST_SETTINGS = 0;"));
         CHANGES.put("many versions", and(LAZY, "MOST_SETTINGS = 2;", "MOST_SETTINGS = 0;", "MOST_GLOBAL = 24;", "MOST_GLOBAL = 200;",
                 "LEAST_LENGTH = 4;", "LEAST_LENGTH = 400;"));
+        CHANGES.put("groups at once", and(LAZY, "MOST_SETTINGS = 2;", "MOST_SETTINGS = 0;", "FEW_TOGETHER = 3;", "FEW_TOGETHER = 1;",
+                "MORE_EPISODES = 40;", "MORE_EPISODES = 3;"));
+        CHANGES.put("groups that stay", and(LAZY, "MOST_SETTINGS = 2;", "MOST_SETTINGS = 0;", "FEW_TOGETHER = 3;", "FEW_TOGETHER = 1;",
+                "LEAST_LENGTH = 4;", "LEAST_LENGTH = 400;", "if (made >= due)", "if (made >= 500)"));
         CHANGES.put("few keys", and(LAZY, "KEYS = 1024;", "KEYS = 64;", "KEYS_SHIFT = 25;", "KEYS_SHIFT = 29;", "MOST_SETTINGS = 2;", "MOST_SETTINGS = 0;"));
         CHANGES.put("few images", and(LAZY, "FEW_PAGES = 64;", "FEW_PAGES = 8;", "Math.min(MAX_PAGES, 2 * mostPages)", "mostPages"));
         CHANGES.put("long rows", and(LAZY, "NEAR = 48;", "NEAR = 0;", "MOST_LOOKED = 256;", "MOST_LOOKED = 1;", "LEAST_DEPTH = 32;", "LEAST_DEPTH = 4;",
