@@ -60,7 +60,7 @@ public final class WindwardScheme {
     private static final int ITEMS = 16; // three values; note: next
     private static final int OWN = 17; // episode, place in it, depth
     private static final int JOINED = 18; // row, row behind it, place in the first one and depth; note: values of the first one
-    private static final int LISTED = 19; // list, depth
+    private static final int LISTED = 19; // list, depth; note: how many of its parts
     // Kinds of cells: episodes.
     private static final int BEGUN = 20; // slot of a body, environment, stamp; note: program
     private static final int RESUMED = 21; // value, environment, stamp; note: path
@@ -1428,7 +1428,7 @@ public final class WindwardScheme {
         /** Puts a free page behind the image that is made. */
         private void addPage() {
             int count = countOfPages(open) + 1;
-            if (freePages.used == 0 || open >= tables.length || tables[open] == null) {
+            if (freePages.used == 0 || open < 0 || open >= tables.length || tables[open] == null) {
                 return;
             }
             if (count >= tables[open].length) {
@@ -1468,9 +1468,11 @@ public final class WindwardScheme {
                 }
                 pages = more;
             }
-            pages[pageCount] = new long[PAGE_WORDS];
-            freePages.add(pageCount);
-            pageCount++;
+            if (pageCount < pages.length) {
+                pages[pageCount] = new long[PAGE_WORDS];
+                freePages.add(pageCount);
+                pageCount++;
+            }
         }
 
         private void dropImage(int program) {
@@ -2831,7 +2833,6 @@ public final class WindwardScheme {
 
         /** Makes a place in the ring for so many numbers of a cell; -1 if they are too many. */
         private int reserve(int key, int size) {
-            largest = Math.max(largest, size);
             if (ringSize < MAX_RING && ringSize < MOST_AT_ONCE * size || ringEnd > MAX_PLACE) {
                 for (int i = 0; i < MAX_LEVEL && ringSize < MAX_RING && ringSize < MOST_AT_ONCE * size; i++) {
                     ringSize *= 4;
@@ -2856,7 +2857,9 @@ public final class WindwardScheme {
          * these are; -1 if it is too much.
          */
         int remember(int key, Row row, int first, int count, int settings) {
-            int spot = reserve(key, HEADER + count + 3 * Math.max(0, settings));
+            int size = HEADER + count + 3 * Math.max(0, settings);
+            int spot = reserve(key, size);
+            largest = Math.max(largest, size);
             if (spot < 0) {
                 return -1;
             }
@@ -2975,12 +2978,13 @@ public final class WindwardScheme {
             return heap.at(cell, index % 3 + 1);
         }
 
-        /** Puts the values of a row into the ring, or the parts of a list as far as its pairs go, and what is left of it. */
+        /** Puts the values of a row into the ring, or parts of a list as far as its pairs go, and what is left of it. */
         boolean unpack(int row) {
             int count = 0;
             boolean isList = heap.kindOf(row) == LISTED;
             int cell = isList ? heap.at(row, ITEM) : row;
-            for (int i = 0; i < MAX_ROW && heap.kindOf(cell) == (isList ? PAIR : ITEMS); i++) {
+            int most = isList ? heap.noteOf(row) : MAX_ROW;
+            for (int i = 0; i < most && heap.kindOf(cell) == (isList ? PAIR : ITEMS); i++) {
                 count += isList ? 1 : 3;
                 cell = isList ? heap.at(cell, REST) : heap.noteOf(cell);
             }
@@ -3070,7 +3074,7 @@ public final class WindwardScheme {
             }
             boolean isPlain = count <= MOST_GATHERED && wanted == 0;
             wanted = 0;
-            return isPlain ? plain(gathered, 0, count) : heap.make(LISTED, 0, list, depthOfList(list), 0);
+            return isPlain ? plain(gathered, 0, count) : heap.make(LISTED, count, list, depthOfList(list), 0);
         }
 
         // ---- the body at hand
@@ -4526,7 +4530,7 @@ public final class WindwardScheme {
         private static final int NOT_SYMBOL = 25;
         private static final int REGISTERS = 5;
         private static final int ENTERING = 1;
-        private static final int CELLS_OF_EPISODE = 16;
+        private static final int CELLS_OF_EPISODE = 6;
         private static final int CELLS_OF_SETTING = 4;
         private static final int MOST_RECALLS = 20000;
 

@@ -12,20 +12,28 @@ public final class ManyValues {
         }
     }
 
+    /** The argument is the part of the tests that is run; without one all of them are run. */
     public static void main(String[] args) throws IllegalAccessException {
-        partsThatWait();
-        argumentsThatStay();
-        listsThatStay();
-        controlThatWaits();
-        comeBackTo();
-        settings();
-        manyClosures();
-        otherPlaces();
-        largePrograms();
-        comeBackToMany();
-        variablesInAnyOrder();
-        orderedAndComeBackTo();
-        programsThatAreKept();
+        String part = args.length > 0 ? args[0] : "123";
+        if (part.contains("1")) {
+            partsThatWait();
+            argumentsThatStay();
+            listsThatStay();
+            controlThatWaits();
+            comeBackTo();
+        }
+        if (part.contains("2")) {
+            settings();
+            manyClosures();
+            otherPlaces();
+            largePrograms();
+            comeBackToMany();
+        }
+        if (part.contains("3")) {
+            variablesInAnyOrder();
+            orderedAndComeBackTo();
+            programsThatAreKept();
+        }
         System.out.println(wrong == 0 ? "all values are held" : wrong + " answers are not as due");
         if (wrong != 0) System.exit(1);
     }
