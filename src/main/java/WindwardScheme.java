@@ -567,7 +567,7 @@ public final class WindwardScheme {
         private static final int FEW_SHARED_SHIFT = 22;
         private static final int FEW_CHUNKS = 64;
 
-        private final long[][] chunks;
+        private final Row[] chunks;
         private int chunkCount;
         private final Row[] roots; // cells
         private int rootCount;
@@ -589,7 +589,7 @@ public final class WindwardScheme {
         int young; // no episode of the body at hand began ahead of this stamp
 
         Heap() {
-            chunks = new long[MAX_CHUNKS][];
+            chunks = new Row[MAX_CHUNKS];
             roots = new Row[MAX_ROOTS];
             weak = new Row[MAX_ROOTS];
             due = MIN_DUE;
@@ -643,7 +643,7 @@ public final class WindwardScheme {
             if (chunkCount >= chunks.length) {
                 return;
             }
-            chunks[chunkCount] = new long[2 * CHUNK_CELLS];
+            chunks[chunkCount] = new Row(4 * CHUNK_CELLS, 0);
             int first = Math.max(1, chunkCount * CHUNK_CELLS);
             chunkCount++;
             for (int cell = chunkCount * CHUNK_CELLS - 1; cell >= first; cell--) {
@@ -658,10 +658,10 @@ public final class WindwardScheme {
             int cell = free;
             int place = cell >> CHUNK_BITS;
             int index = (cell & CHUNK_CELLS - 1) << 1;
-            if (cell <= 0 || place >= chunks.length || chunks[place] == null || index + 1 >= chunks[place].length) {
+            if (cell <= 0 || place >= chunks.length || chunks[place] == null || index + 1 >= chunks[place].words.length) {
                 return 0;
             }
-            long[] words = chunks[place];
+            long[] words = chunks[place].words;
             free = (int) (words[index] >>> 32);
             words[index] = (cellKind | note << NOTE_SHIFT) & LOW_WORD | (long) one << 32;
             words[index + 1] = two & LOW_WORD | (long) three << 32;
@@ -699,7 +699,7 @@ public final class WindwardScheme {
             if (place < 0 || place >= chunks.length || chunks[place] == null) {
                 return 0;
             }
-            long[] words = chunks[place];
+            long[] words = chunks[place].words;
             int index = ((cell & CHUNK_CELLS - 1) << 1) + (field >> 1);
             return index >= 0 && index < words.length ? (int) (words[index] >>> ((field & 1) << 5)) : 0;
         }
@@ -707,10 +707,10 @@ public final class WindwardScheme {
         void put(int cell, int field, int word) {
             int place = cell >> CHUNK_BITS;
             int index = ((cell & CHUNK_CELLS - 1) << 1) + (field >> 1);
-            if (cell <= 0 || place >= chunks.length || chunks[place] == null || index >= chunks[place].length) {
+            if (cell <= 0 || place >= chunks.length || chunks[place] == null || index >= chunks[place].words.length) {
                 return;
             }
-            long[] words = chunks[place];
+            long[] words = chunks[place].words;
             if (index >= 0) {
                 boolean isLow = (field & 1) == 0;
                 long old = words[index];
@@ -722,14 +722,14 @@ public final class WindwardScheme {
             int place = cell >> CHUNK_BITS;
             int index = (cell & CHUNK_CELLS - 1) << 1;
             boolean isThere = place >= 0 && place < chunks.length && chunks[place] != null;
-            return isThere && index < chunks[place].length ? (int) chunks[place][index] & KIND_MASK : FREE;
+            return isThere && index < chunks[place].words.length ? (int) chunks[place].words[index] & KIND_MASK : FREE;
         }
 
         int noteOf(int cell) {
             int place = cell >> CHUNK_BITS;
             int index = (cell & CHUNK_CELLS - 1) << 1;
             boolean isThere = place >= 0 && place < chunks.length && chunks[place] != null;
-            return isThere && index < chunks[place].length ? (int) chunks[place][index] >>> NOTE_SHIFT : 0;
+            return isThere && index < chunks[place].words.length ? (int) chunks[place].words[index] >>> NOTE_SHIFT : 0;
         }
 
         void setNote(int cell, int note) {
@@ -798,15 +798,16 @@ public final class WindwardScheme {
         private void shade(int cell) {
             int place = cell >> CHUNK_BITS;
             int index = (cell & CHUNK_CELLS - 1) << 1;
-            if (cell <= 0 || place >= chunks.length || chunks[place] == null || index >= chunks[place].length) {
+            if (cell <= 0 || place >= chunks.length || chunks[place] == null || index >= chunks[place].words.length) {
                 return;
             }
-            int head = (int) chunks[place][index];
+            long[] words = chunks[place].words;
+            int head = (int) words[index];
             if ((head & (MARKED | KEPT)) != 0 || (head & KIND_MASK) == FREE) {
                 return;
             }
             boolean hasPlace = stack != null && stacked >= 0 && stacked < stack.length;
-            chunks[place][index] |= hasPlace ? MARKED : MARKED | GRAY;
+            words[index] |= hasPlace ? MARKED : MARKED | GRAY;
             if (hasPlace) {
                 stack[stacked] = cell;
                 stacked++;
@@ -946,7 +947,7 @@ public final class WindwardScheme {
     private static final class Store {
         private static final int MAX_PROGRAMS = 1000;
         private static final int MAX_PAGES = 2400;
-        private static final int PAGE_WORDS = 256;
+        private static final int PAGE_NUMBERS = 512;
         private static final int PAGE_BITS = 9;
         private static final int PAGE_MASK = 511;
         private static final int MEANING_SHIFT = 6;
@@ -966,8 +967,8 @@ public final class WindwardScheme {
         private final Row programData;
         private final Row programMeanings;
         private final Row programSlots;
-        private int[][] tables; // for each program how many pages its image has, and these
-        private long[][] pages;
+        private Row[] tables; // for each program the pages of its image, as many as are used
+        private Row[] pages;
         private int pageCount;
         private final Row freePages;
         private int open; // the program whose image is made
@@ -980,8 +981,8 @@ public final class WindwardScheme {
             programData = new Row(16, MAX_PROGRAMS);
             programMeanings = heap.newRoots(16, MAX_PROGRAMS);
             programSlots = new Row(16, MAX_PROGRAMS);
-            tables = new int[FEW][];
-            pages = new long[FEW][];
+            tables = new Row[FEW];
+            pages = new Row[FEW];
             freePages = new Row(16, MAX_PAGES);
             freePages.used = 0;
             mostPages = FEW_PAGES;
@@ -1338,29 +1339,25 @@ public final class WindwardScheme {
         }
 
         boolean isLoaded(int program) {
-            return program >= 0
-                    && program < tables.length
-                    && tables[program] != null
-                    && tables[program].length > 0
-                    && tables[program][0] > 0;
+            return program >= 0 && program < tables.length && tables[program] != null && tables[program].used > 0;
         }
 
         /** A number of the image of a program. */
         int word(int program, int offset) {
-            if (program < 0 || program >= tables.length || tables[program] == null) {
-                return 0;
-            }
-            int[] table = tables[program];
             int place = offset >> PAGE_BITS;
+            if (program < 0 || program >= tables.length || tables[program] == null || place >= tables[program].used) {
+                return 0;
+            }
+            long[] table = tables[program].words;
+            if (place < 0 || place >> 1 >= table.length) {
+                return 0;
+            }
+            int page = (int) (table[place >> 1] >>> ((place & 1) << 5));
             int at = (offset & PAGE_MASK) >> 1;
-            if (place < 0 || place + 1 >= table.length || place >= table[0]) {
+            if (page < 0 || page >= pages.length || pages[page] == null || at >= pages[page].words.length) {
                 return 0;
             }
-            int page = table[place + 1];
-            if (page < 0 || page >= pages.length || pages[page] == null || at >= pages[page].length) {
-                return 0;
-            }
-            return (int) (pages[page][at] >>> ((offset & 1) << 5));
+            return (int) (pages[page].words[at] >>> ((offset & 1) << 5));
         }
 
         /** Begins to make the image of a program. If there was one that was given up, more of them are to be held. */
@@ -1368,7 +1365,7 @@ public final class WindwardScheme {
             boolean isAgain = program != 0 && programSlots.get(program) != 0;
             mostPages = isAgain ? Math.min(MAX_PAGES, 2 * mostPages) : mostPages;
             if (program >= tables.length && program < MAX_PROGRAMS) {
-                int[][] more = new int[Math.min(MAX_PROGRAMS, 4 * program)][];
+                Row[] more = new Row[Math.min(MAX_PROGRAMS, 4 * program)];
                 for (int i = 0; i < tables.length; i++) {
                     more[i] = tables[i];
                 }
@@ -1377,7 +1374,8 @@ public final class WindwardScheme {
             open = program;
             end = 1;
             if (program >= 0 && program < tables.length && tables[program] == null) {
-                tables[program] = new int[FEW];
+                tables[program] = new Row(FEW, MAX_PAGES);
+                tables[program].used = 0;
             }
             dropImage(program);
             programSlots.put(program, 0);
@@ -1410,35 +1408,25 @@ public final class WindwardScheme {
         /** Puts a number in place of another one of the image that is made. */
         void patch(int offset, int number) {
             int place = offset >> PAGE_BITS;
-            boolean isThere = place >= 0 && place < countOfPages(open) && place + 1 < tables[open].length;
-            int page = isThere ? tables[open][place + 1] : -1;
-            int at = (offset & PAGE_MASK) >> 1;
-            if (page >= 0 && page < pages.length && pages[page] != null && at < pages[page].length) {
-                long old = pages[page][at];
-                boolean isLow = (offset & 1) == 0;
-                pages[page][at] = isLow ? old & ~LOW_WORD | number & LOW_WORD : old & LOW_WORD | (long) number << 32;
+            int page = place >= 0 && place < countOfPages(open) ? tables[open].get(place) : -1;
+            if (page >= 0 && page < pages.length && pages[page] != null) {
+                pages[page].put(offset & PAGE_MASK, number);
             }
         }
 
         private int countOfPages(int program) {
             boolean isThere = program >= 0 && program < tables.length && tables[program] != null;
-            return isThere && tables[program].length > 0 ? tables[program][0] : 0;
+            return isThere ? tables[program].used : 0;
         }
 
         /** Puts a free page behind the image that is made. */
         private void addPage() {
-            int count = countOfPages(open) + 1;
-            if (freePages.used == 0 || open < 0 || open >= tables.length || tables[open] == null) {
-                return;
+            if (freePages.used > 0 && open >= 0 && open < tables.length && tables[open] != null) {
+                Row table = tables[open];
+                freePages.used--;
+                table.put(table.used, freePages.get(freePages.used));
+                table.used++;
             }
-            if (count >= tables[open].length) {
-                int[] more = new int[4 * count];
-                System.arraycopy(tables[open], 0, more, 0, tables[open].length);
-                tables[open] = more;
-            }
-            freePages.used--;
-            tables[open][0] = count;
-            tables[open][count] = freePages.get(freePages.used);
         }
 
         /** Lets there be some free pages, if that can be; other images may be given up for them, the largest one first. */
@@ -1462,14 +1450,14 @@ public final class WindwardScheme {
 
         private void makePage() {
             if (pageCount >= pages.length) {
-                long[][] more = new long[Math.min(MAX_PAGES, 4 * pageCount)][];
+                Row[] more = new Row[Math.min(MAX_PAGES, 4 * pageCount)];
                 for (int i = 0; i < pages.length; i++) {
                     more[i] = pages[i];
                 }
                 pages = more;
             }
             if (pageCount < pages.length) {
-                pages[pageCount] = new long[PAGE_WORDS];
+                pages[pageCount] = new Row(PAGE_NUMBERS, 0);
                 freePages.add(pageCount);
                 pageCount++;
             }
@@ -1477,11 +1465,11 @@ public final class WindwardScheme {
 
         private void dropImage(int program) {
             int count = countOfPages(program);
-            for (int i = 1; i <= count && i < tables[program].length; i++) {
-                freePages.add(tables[program][i]);
+            for (int i = 0; i < count; i++) {
+                freePages.add(tables[program].get(i));
             }
             if (count > 0) {
-                tables[program][0] = 0;
+                tables[program].used = 0;
             }
         }
     }
