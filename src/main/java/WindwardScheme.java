@@ -58,15 +58,15 @@ public final class WindwardScheme {
     private static final int BINDING = 15; // name or pattern, next, what it matches; note: pattern of a row: see Macros
     // Kinds of cells: rows of values: see Values.
     private static final int ITEMS = 16; // three values; note: next
-    private static final int OWN = 17; // episode, place in it, depth
-    private static final int JOINED = 18; // row, row behind it, place in the first one and depth; note: values of the first one
-    private static final int LISTED = 19; // list, depth; note: how many of its parts
-    // Kinds of cells: episodes.
-    private static final int BEGUN = 20; // slot of a body, environment, stamp; note: program
-    private static final int RESUMED = 21; // value, environment, stamp; note: path
+    private static final int ARGUMENTS = 17; // row, place of the call in code or 0, height of the call; note: see Values
+    private static final int JOINED = 18; // row from a height on, row below, height
+    private static final int LISTED = 19; // list, list for the rest or 0, how many of its parts are bound
+    // Kinds of cells: episodes, which are rows, too.
+    private static final int BEGUN = 20; // slot of a body, environment, stamp; note: program and tests
+    private static final int RESUMED = 21; // value or TESTS, environment, stamp; note: path
     // Kinds of cells: what variables are bound to: see Variables.
     private static final int ONE_ENVIRONMENT = 22; // value or version, the environment around
-    private static final int ENVIRONMENT = 23; // row or version, the environment around, variables; note: versions and depth
+    private static final int ENVIRONMENT = 23; // row or version, the one around, see Values; note: versions, SEEN
     private static final int SETTING = 24; // value, the version before, stamp; note: place
     private static final int SETTINGS = 25; // episode, the version before, stamp; note: mask of places
     private static final int GROUPED = 26; // its newest settings in a group, the version before, stamp; note: the group
@@ -89,12 +89,12 @@ public final class WindwardScheme {
     private static final int THUNKS = 41; // before, after, how many winds there are with it
     private static final int HANDLER = 42; // procedure, the handler around it, how many handlers there are with it
     private static final int GOAL = 43; // continuation, value, procedure that takes it or 0
+    private static final int TESTS = 44; // the value that an episode went on with, what its tests came to: see Values
 
-    // The fields of a cell that name other cells, by kind: 1 the first field, 2 the second, 4 the third, 8 the note. What is
-    // before ALL_SET and GROUP_SETTINGS is not among them: see Heap.
+    // The fields of a cell that name other cells, by kind: 1 the first field, 2 the second, 4 the third, 8 the note.
     private static final byte[] REFERENCES = {
-        0, 0, 0, 1, 0, 0, 3, 0, 2, 0, 7, 1, 0, 3, 3, 7, 15, 1, 3, 1, 2, 11, 3, 3, 3, 3, 11, 1, 1, 1, 3, 0, 15, 3, 7, 7, 3, 3,
-        7, 7, 15, 3, 3, 7
+        0, 0, 0, 1, 0, 0, 3, 0, 2, 0, 7, 1, 0, 3, 3, 7, 15, 1, 3, 3, 2, 11, 3, 3, 3, 3, 11, 3, 1, 3, 3, 0, 15, 3, 7, 7, 3, 3,
+        7, 7, 15, 3, 3, 7, 1
     };
 
     // The fields of cells, by the names that fit their kinds.
@@ -126,8 +126,9 @@ public final class WindwardScheme {
     private static final int LOCAL = 6; // place among the variables of its lambda, how many environments out
     private static final int GLOBAL = 7; // symbol
     private static final int TAG_MASK = 7;
-    private static final int SLOT_SHIFT = 3;
-    private static final int DEPTH_OUT_SHIFT = 14;
+    private static final int ACTIVE = 8; // there is a call, a test or a setting in it
+    private static final int SLOT_SHIFT = 4;
+    private static final int DEPTH_OUT_SHIFT = 15;
     private static final int PLACE_MASK = 2047;
 
     // The nodes of code, by their first number. Ahead of slots and nodes are the slot of the form around and which of its
@@ -141,6 +142,12 @@ public final class WindwardScheme {
     private static final int BODY_PLACE = 4; // of the slots in a lambda
     private static final int OFFSET_BITS = 21; // of a place in the code of a program, as far as cells hold it
     private static final int OFFSET_MASK = (1 << 21) - 1;
+    // How many variables an environment has, with the place of the call of its arguments above; how many arguments are bound
+    // one by one, whether there is a rest, and how many there are.
+    private static final int COUNT_BITS = 11;
+    private static final int COUNT_MASK = 2047;
+    private static final int HAS_REST = 2048;
+    private static final int SEEN = 1 << 22; // in the note of an environment: by an episode, since it was set
 
     // The cells that are always there, in the order in which Store makes them.
     private static final int FIRST_SYMBOL_CELL = 1;
@@ -168,6 +175,9 @@ public final class WindwardScheme {
     private static final int KEPT = 128;
     private static final int GRAY = 256;
     private static final int NOTE_SHIFT = 9;
+    private static final int NOTE_BITS = 23;
+    private static final int PROGRAM_BITS = 10; // of a program in a note
+    private static final int PROGRAM_MASK = 1023;
     // Cells that are free ahead of each step, so that none is looked for within it: of one that is small, and of one in
     // which a datum or list as large as can be is made. And those that stay free for data.
     private static final int STEP = 1024;
@@ -178,7 +188,6 @@ public final class WindwardScheme {
     private static final int MAX_STEPS = 2000000000;
     private static final int MAX_LEVEL = 104;
     private static final int MAX_ROW = 163840;
-    private static final int MOST_STACKED = 600000;
 
     private final Store store;
     private final Writer writer;
@@ -566,34 +575,38 @@ public final class WindwardScheme {
         private static final int SHARED_SHIFT = 18;
         private static final int FEW_SHARED_SHIFT = 22;
         private static final int FEW_CHUNKS = 64;
+        // What was found is known for a while, in sets of a few entries each.
+        private static final int WAYS = 4;
+        private static final int ENTRY = 4;
+        private static final int KNOWN_SHIFT = 20;
+        private static final int SOME_KNOWN_SHIFT = 22;
+        private static final int FEW_KNOWN_SHIFT = 24;
+        private static final int SOME_CHUNKS = 16;
 
         private final Row[] chunks;
         private int chunkCount;
         private final Row[] roots; // cells
         private int rootCount;
-        private final Row[] weak; // cells that are forgotten if nothing else reaches them
-        private int weakCount;
         private final Row shared;
+        private Row memo; // cell, place, and what was found there
+        private int knownShift;
         private int[] stack;
         private int stacked;
         private boolean isStackShort;
-        private boolean hasVersions;
-        private int oldest; // stamp of an episode that may look at versions
-        private int joined; // stamp of the oldest member of a group of environments
         private int free;
         int freeCells;
         private int made;
         private int due;
         private int live;
         int collections;
-        int young; // no episode of the body at hand began ahead of this stamp
 
         Heap() {
             chunks = new Row[MAX_CHUNKS];
             roots = new Row[MAX_ROOTS];
-            weak = new Row[MAX_ROOTS];
             due = MIN_DUE;
-            shared = newWeakRow(SHARED);
+            shared = new Row(16, SHARED);
+            memo = new Row(0, 0);
+            knownShift = FEW_KNOWN_SHIFT;
             addChunk();
         }
 
@@ -603,15 +616,6 @@ public final class WindwardScheme {
             if (rootCount < roots.length) {
                 roots[rootCount] = row;
                 rootCount++;
-            }
-            return row;
-        }
-
-        Row newWeakRow(int most) {
-            Row row = new Row(16, most);
-            if (weakCount < weak.length) {
-                weak[weakCount] = row;
-                weakCount++;
             }
             return row;
         }
@@ -694,6 +698,47 @@ public final class WindwardScheme {
             return cell;
         }
 
+        /** What was found for a cell and a place; 0 if that is not known, or not any more. */
+        int known(int cell, int place) {
+            int first = ((cell * 0x9E3779B1 + place * 0x7FEB352D) * 0x85EBCA6B >>> knownShift) * WAYS * ENTRY >> 1;
+            long key = cell & LOW_WORD | (long) place << 32;
+            long[] words = memo.words;
+            for (int i = first; i < first + WAYS * ENTRY / 2 && i + 1 < words.length; i += ENTRY / 2) {
+                if (words[i] == key) {
+                    return (int) words[i + 1];
+                }
+            }
+            return 0;
+        }
+
+        /** Keeps what was found for a cell and a place, ahead of what has been known for longer. */
+        void know(int cell, int place, int value) {
+            int shift = chunkCount >= FEW_CHUNKS ? KNOWN_SHIFT : chunkCount >= SOME_CHUNKS ? SOME_KNOWN_SHIFT : FEW_KNOWN_SHIFT;
+            if (shift != knownShift || memo.words.length == 0) {
+                Row before = memo;
+                knownShift = shift;
+                memo = new Row(WAYS * ENTRY << 32 - shift, 0);
+                for (int i = 2 * before.words.length - ENTRY; i >= 0; i -= ENTRY) {
+                    putKnown(before.get(i), before.get(i + 1), before.get(i + 2));
+                }
+            }
+            putKnown(cell, place, value);
+        }
+
+        private void putKnown(int cell, int place, int value) {
+            int first = ((cell * 0x9E3779B1 + place * 0x7FEB352D) * 0x85EBCA6B >>> knownShift) * WAYS * ENTRY;
+            int last = first + (WAYS - 1) * ENTRY;
+            for (int i = last; i >= first; i -= ENTRY) {
+                last = memo.get(i) == cell && memo.get(i + 1) == place ? i : last;
+            }
+            for (int i = last + 2; i >= first + ENTRY; i--) {
+                memo.put(i, memo.get(i - ENTRY));
+            }
+            memo.put(first, cell);
+            memo.put(first + 1, place);
+            memo.put(first + 2, value);
+        }
+
         int at(int cell, int field) {
             int place = cell >> CHUNK_BITS;
             if (place < 0 || place >= chunks.length || chunks[place] == null) {
@@ -769,9 +814,6 @@ public final class WindwardScheme {
         private void collect() {
             stacked = 0;
             isStackShort = false;
-            hasVersions = false;
-            oldest = Integer.MAX_VALUE;
-            joined = Integer.MAX_VALUE;
             stack = stack == null ? new int[MAX_STACK] : stack;
             for (int i = 0; i < rootCount && i < roots.length; i++) {
                 for (int j = 0; roots[i] != null && j < roots[i].used; j++) {
@@ -780,13 +822,9 @@ public final class WindwardScheme {
                 scanStacked();
             }
             scanGray();
-            for (int i = 0; i < MAX_CELLS && hasVersions && areOlderSeen(); i++) {
-                scanHidden();
-                scanGray();
-            }
-            if (hasVersions) {
-                cutVersions();
-            }
+            scanKnown();
+            scanStacked();
+            scanGray();
             forgetUnmarked();
             sweep();
             made = 0;
@@ -823,11 +861,6 @@ public final class WindwardScheme {
                 int head = at(cell, HEAD);
                 int cellKind = head & KIND_MASK;
                 int fields = cellKind < REFERENCES.length ? REFERENCES[cellKind] : 0;
-                if (cellKind == ALL_SET || cellKind == GROUP_SETTINGS) {
-                    hasVersions = true;
-                    boolean isSeen = cellKind == ALL_SET ? at(cell, STAMP) >= oldest : at(at(cell, NEXT), STAMP) > joined;
-                    shade(isSeen ? at(cell, NEXT) : 0);
-                }
                 // The next one of a row is taken from the stack behind the others: so a long row needs little of it.
                 if ((fields & 8) != 0) {
                     shade(head >>> NOTE_SHIFT);
@@ -856,65 +889,31 @@ public final class WindwardScheme {
             }
         }
 
-        /** Whether what a version was before can be looked at by an episode, or what settings were before by a member. */
-        private boolean isBeforeSeen(int cell, int cellKind) {
-            return cellKind == ALL_SET ? at(cell, STAMP) >= oldest : at(at(cell, NEXT), STAMP) > joined;
-        }
-
-        /** Whether this is a version, or settings of a group, with others before it that are not marked. */
-        private boolean hasHidden(int cell) {
-            int head = at(cell, HEAD);
-            int cellKind = head & KIND_MASK;
-            boolean isOfKind = cellKind == ALL_SET || cellKind == GROUP_SETTINGS;
-            return isOfKind && (head & MARKED) != 0 && at(cell, NEXT) != 0 && (at(at(cell, NEXT), HEAD) & MARKED) == 0;
-        }
-
-        /** Looks for the oldest episode and member that are marked; whether they are older than those that were found before. */
-        private boolean areOlderSeen() {
-            int oldestBefore = oldest;
-            int joinedBefore = joined;
-            oldest = Math.min(oldest, young);
-            for (int cell = 1; cell < chunkCount * CHUNK_CELLS; cell++) {
-                int head = at(cell, HEAD);
-                int cellKind = (head & MARKED) == 0 ? FREE : head & KIND_MASK;
-                oldest = cellKind == BEGUN || cellKind == RESUMED ? Math.min(oldest, at(cell, STAMP)) : oldest;
-                joined = cellKind == GROUPED ? Math.min(joined, at(cell, STAMP)) : joined;
-            }
-            return oldest < oldestBefore || joined < joinedBefore;
-        }
-
-        /** Marks what versions and settings were before, as far as it can be looked at. */
-        private void scanHidden() {
-            for (int cell = 1; cell < chunkCount * CHUNK_CELLS; cell++) {
-                if (hasHidden(cell) && isBeforeSeen(cell, kindOf(cell))) {
-                    shade(at(cell, NEXT));
-                    scanStacked();
-                }
-            }
-        }
-
-        /** Lets nothing be before versions and settings that is not marked. */
-        private void cutVersions() {
-            for (int cell = 1; cell < chunkCount * CHUNK_CELLS; cell++) {
-                if (hasHidden(cell)) {
-                    put(cell, NEXT, 0);
-                }
-                boolean isFull = kindOf(cell) == ALL_SET && (at(cell, HEAD) & MARKED) != 0;
-                if (isFull && (at(noteOf(cell), HEAD) & MARKED) == 0) {
-                    setNote(cell, 0);
+        /** Marks what was found for cells that are marked. */
+        private void scanKnown() {
+            for (int i = 0; i < 2 * memo.words.length; i += ENTRY) {
+                if ((at(memo.get(i), HEAD) & MARKED) != 0) {
+                    shade(memo.get(i + 2));
                 }
             }
         }
 
         private void forgetUnmarked() {
-            for (int i = 0; i < weakCount && i < weak.length; i++) {
-                Row row = weak[i];
-                for (int j = 0; row != null && j < 2 * row.words.length; j++) {
-                    if (row.get(j) != 0 && (at(row.get(j), HEAD) & (MARKED | KEPT)) == 0) {
-                        row.put(j, 0);
-                    }
+            for (int i = 0; i < 2 * shared.words.length; i++) {
+                if (isUnmarked(shared.get(i))) {
+                    shared.put(i, 0);
                 }
             }
+            for (int i = 0; i < 2 * memo.words.length; i += ENTRY) {
+                if (isUnmarked(memo.get(i)) || isUnmarked(memo.get(i + 2))) {
+                    memo.put(i, 0);
+                    memo.put(i + 1, 0);
+                }
+            }
+        }
+
+        private boolean isUnmarked(int cell) {
+            return (at(cell, HEAD) & (MARKED | KEPT)) == 0;
         }
 
         private void sweep() {
@@ -1552,8 +1551,8 @@ public final class WindwardScheme {
                 if (values.wanted < 0) {
                     return -values.wanted;
                 }
-                if (values.wanted > 0 || body.isRecalling()) {
-                    isRight = body.recall(0);
+                if (values.wanted > 0 || body.isFinding()) {
+                    isRight = body.find(0);
                     continue;
                 }
                 waiting--;
@@ -2464,6 +2463,7 @@ public final class WindwardScheme {
             if (level > 0) {
                 int place = beginNode();
                 int around = kind & TAG_MASK | place << SLOT_SHIFT;
+                int active = kind == CALL || kind == BRANCH || kind > OTHER && kind != nodeOf(LAMBDA) ? ACTIVE : 0;
                 slots.used = first;
                 if ((kind & TAG_MASK) == OTHER) {
                     store.emit(kind >> SLOT_SHIFT);
@@ -2473,10 +2473,11 @@ public final class WindwardScheme {
                     around = SEQUENCE | beginNode() << SLOT_SHIFT;
                 }
                 for (int i = first; i < last; i++) {
+                    active |= kind == nodeOf(LAMBDA) ? 0 : slots.get(i) & ACTIVE;
                     link(slots.get(i), around, i - first);
                 }
                 store.emit(0);
-                slots.add(kind & TAG_MASK | place << SLOT_SHIFT);
+                slots.add(kind & TAG_MASK | active | place << SLOT_SHIFT);
             }
             lists.put(level, 0);
             scopes.put(level, 0);
@@ -2699,77 +2700,60 @@ public final class WindwardScheme {
     /**
      * Rows of values, the lists that are made of them, and what is known of the body at hand.
      *
-     * <p>A run can hold thousands of values ahead of each of its applications, more than there is room for. So many values
-     * are not held, but the episode in which they came about: what is evaluated from where a body begins, or goes on with a
-     * value, up to the next application. An episode takes one cell. It is evaluated again when one of its values is looked
-     * for, with all variables as they were then; and what it comes to is kept for a while, in a ring.
+     * <p>A run can hold thousands of values ahead of each of its applications, more than there is room for. So they are not
+     * held, but the episode in which they came about: what is evaluated from where a body begins, or goes on with a value,
+     * up to the next application. An episode takes one cell, whatever comes about in it; what a part of it came to is told
+     * by the code at its place, with the variables as they were then, and is looked for when it is wanted (see Body).
      *
-     * <p>A row is one value, which is its own row; ITEMS, a few values; OWN, values of an episode; JOINED, those of a row
-     * from a place on, and those of another row behind them; LISTED, the parts of a list. Each row that depends on episodes
-     * has a depth: how many of them must be evaluated again, at most, one for the other.
+     * <p>A row is one value, which is its own row; ITEMS, a few values; an episode, whose values are found by their places
+     * in code; JOINED, those of a row up to a height, and others from there on; ARGUMENTS, the arguments of a call; LISTED,
+     * the parts of a list.
      */
     private static final class Values {
-        // Cells in which values of an episode are held as they are; and values that are looked at one by one.
-        private static final int MOST_PLAIN = 4;
-        private static final int MOST_GATHERED = 6;
-        private static final int NEAR = 48;
-        private static final int SKIP_MASK = 262143;
-        private static final int DEPTH_BITS = 18;
-        private static final int KEYS = 1024;
-        private static final int KEYS_SHIFT = 25;
-        private static final int WAYS = 8;
-        private static final int RING = 4096;
-        private static final int MAX_RING = 262144;
-        private static final int HEADER = 2;
-        private static final int MOST_AT_ONCE = 128; // episodes that may be looked at by turns
-        private static final int MAX_PLACE = 1 << 30;
+        // Values that are held as they are, if they take no more cells than this.
+        private static final int MOST_PLAIN = 3;
+        private static final int MOST_CELLS = 2;
+        private static final int MOST_TESTS = 61;
         private static final int NO_LENGTH = -1;
         private static final int UNKNOWN_LENGTH = -2;
-        static final int NOT_KNOWN = -1;
         static final int NONE = -1;
 
         private final Heap heap;
         private final Store store;
         int stamps;
-        // What must be made again, before a value that was looked for is there: an episode, a row that is to be put into the
-        // ring, minus the number of a program; or 0.
+        // What must be found before a value that was looked for is there: the part of an episode at a place, or the variable
+        // of an environment, of which the place is then ~; or minus the number of a program that must be expanded; or 0.
         int wanted;
-        // The ring: for a cell the numbers of its values and of places for settings, as negative ones, the values, the settings.
-        private final Row ring;
-        private int ringSize;
-        private int ringEnd;
-        private int largest; // of what was kept there
-        int latest; // stamp of an episode that may be evaluated again
-        private final Row keys;
-        private final Row spots;
+        int wantedPlace;
+        boolean isGlobalSeen; // an episode was made that may look at the newest version of global variables
+        int built; // the row of what waits in the body at hand, and of the arguments above; 0 if it is not made
         private final Row gathered;
         // The body at hand: the row that is below its values, and for each episode of it at what height its values begin,
-        // where it began, the value it went on with, its stamp, its cell if there is one; program and slot of the body.
+        // where it began, the value it went on with, its stamp, its cell if there is one, and what its tests came to (two
+        // numbers); program and slot of the body.
         private final Row base;
         private final Row begins;
         private final Row paths;
         private final Row gifts;
         private final Row times;
         private final Row episodes;
+        private final Row testsOfBody;
         private final Row begun;
         final Row stack;
 
         Values(Heap heap, Store store) {
             this.heap = heap;
             this.store = store;
-            ring = heap.newRoots(16, MAX_RING);
-            ringSize = RING;
-            keys = heap.newWeakRow(KEYS);
-            spots = new Row(16, KEYS);
-            gathered = heap.newRoots(MOST_GATHERED, MOST_GATHERED);
+            gathered = heap.newRoots(MOST_PLAIN + 1, MOST_PLAIN + 1);
             base = heap.newRoots(1, 1);
             begins = new Row(16, MAX_ROW);
             paths = heap.newRoots(16, MAX_ROW);
             gifts = heap.newRoots(16, MAX_ROW);
             times = new Row(16, MAX_ROW);
             episodes = heap.newRoots(16, MAX_ROW);
+            testsOfBody = new Row(16, 2 * MAX_ROW);
             begun = new Row(2, 2);
-            stack = heap.newRoots(16, MOST_STACKED);
+            stack = heap.newRoots(16, MAX_ROW);
             stack.used = 0;
             forgetBody();
         }
@@ -2781,214 +2765,200 @@ public final class WindwardScheme {
 
         // ---- what episodes came to
 
-        /** Where the numbers of a cell are in the ring; -1 if they are not there, or not any more. */
-        private int spotOf(int key) {
-            int first = (key * 0x9E3779B1 >>> KEYS_SHIFT) * WAYS;
-            for (int i = first; i < first + WAYS; i++) {
-                if (keys.get(i) == key && key != 0) {
-                    return ringEnd - spots.get(i) <= ringSize ? spots.get(i) : -1;
-                }
-            }
-            return -1;
+        boolean isEpisode(int cell) {
+            int cellKind = heap.kindOf(cell);
+            return cellKind == BEGUN || cellKind == RESUMED;
         }
 
-        private int ringAt(int spot) {
-            return ring.get(spot & ringSize - 1);
-        }
-
-        private void putIntoRing(int spot, int number) {
-            ring.put(spot & ringSize - 1, number);
-        }
-
-        /** A place for a key: its own one, or one that is free, or that of the oldest one. */
-        private int wayOf(int key) {
-            int first = (key * 0x9E3779B1 >>> KEYS_SHIFT) * WAYS;
-            int place = first;
-            for (int i = first; i < first + WAYS; i++) {
-                if (keys.get(i) == key) {
-                    return i;
-                }
-                boolean isOlder = keys.get(i) == 0 || spots.get(i) < spots.get(place);
-                place = keys.get(place) != 0 && isOlder ? i : place;
-            }
-            return place;
-        }
-
-        /** How many episodes have a place in the ring at once, however large they are. */
-        int mostAtOnce() {
-            return MAX_RING / Math.max(1, largest);
-        }
-
-        /** Makes a place in the ring for so many numbers of a cell; -1 if they are too many. */
-        private int reserve(int key, int size) {
-            if (ringSize < MAX_RING && ringSize < MOST_AT_ONCE * size || ringEnd > MAX_PLACE) {
-                for (int i = 0; i < MAX_LEVEL && ringSize < MAX_RING && ringSize < MOST_AT_ONCE * size; i++) {
-                    ringSize *= 4;
-                }
-                ringEnd = 0;
-                keys.fillWithZeros();
-            }
-            if (size > ringSize) {
-                return -1;
-            }
-            int place = wayOf(key);
-            int spot = ringEnd;
-            keys.put(place, key);
-            spots.put(place, spot);
-            ringEnd += size;
-            ring.used = ringSize;
-            return spot;
+        int programOf(int episode) {
+            int note = heap.noteOf(episode);
+            return heap.kindOf(episode) == BEGUN ? note & PROGRAM_MASK : heap.noteOf(note);
         }
 
         /**
-         * Keeps what a cell comes to: so many values of a row, and places for settings, a power of 2, 0, or NOT_KNOWN. Where
-         * these are; -1 if it is too much.
+         * What a test of an episode came to, by how many of its tests were ahead of it: 1 or 0; -1 if that is not known. They
+         * stand behind a 1, the last one in the lowest bit.
          */
-        int remember(int key, Row row, int first, int count, int settings) {
-            int size = HEADER + count + 3 * Math.max(0, settings);
-            int spot = reserve(key, size);
-            largest = Math.max(largest, size);
-            if (spot < 0) {
-                return -1;
+        int testOf(int episode, int index) {
+            int gift = heap.at(episode, ITEM);
+            boolean isBegun = heap.kindOf(episode) == BEGUN;
+            long tests = isBegun ? heap.noteOf(episode) >>> PROGRAM_BITS : 0;
+            if (!isBegun && heap.kindOf(gift) == TESTS) {
+                tests = heap.at(gift, 2) & LOW_WORD | (long) heap.at(gift, 3) << 32;
             }
-            putIntoRing(spot, ~count);
-            putIntoRing(spot + 1, ~settings);
-            int behind = spot + HEADER + count;
-            for (int i = 0; i < count; i++) {
-                putIntoRing(spot + HEADER + i, row.get(first + i));
+            int count = 0;
+            for (int i = 1; i < 63 && tests >>> i != 0; i++) {
+                count++;
             }
-            for (int i = 0; i < 3 * settings; i++) {
-                putIntoRing(behind + i, 0);
-            }
-            return behind;
+            return index < count ? (int) (tests >>> count - 1 - index) & 1 : -1;
         }
 
-        private static int hashOf(int environment, int place) {
-            return (environment * 31 + place) * 0x9E3779B1 >>> 8;
+        /** Notes what a test of the episode at hand came to; if they are too many, none is known. */
+        void noteTest(boolean holds) {
+            int index = 2 * (begins.used - 1);
+            long tests = testsOfBody.get(index) & LOW_WORD | (long) testsOfBody.get(index + 1) << 32;
+            tests = tests >>> MOST_TESTS != 0 ? 0 : 2 * tests + (holds && tests != 0 ? 1 : 0);
+            testsOfBody.put(index, (int) tests);
+            testsOfBody.put(index + 1, (int) (tests >>> 32));
         }
 
-        /** Keeps what an episode set a variable to, among so many places for settings. */
-        void rememberSetting(int spot, int settings, int environment, int place, int value) {
-            int at = hashOf(environment, place);
-            for (int i = 0; i < settings; i++) {
-                int setting = spot + 3 * (at + i & settings - 1);
-                if (ringAt(setting + 1) == 0) {
-                    putIntoRing(setting, environment);
-                    putIntoRing(setting + 1, ~place);
-                    putIntoRing(setting + 2, value);
-                    return;
-                }
-            }
+        /** The place of a part of a form. */
+        static int placeOfPart(int slot, int index) {
+            return (slot >>> SLOT_SHIFT) + ((slot & TAG_MASK) == OTHER ? 2 : index);
         }
 
-        /** What an episode set a variable to at last; NONE if it did not; 0, too, if the episode is wanted first. */
-        int settingOf(int episode, int environment, int place) {
-            int spot = spotOf(episode);
-            int settings = spot < 0 ? NOT_KNOWN : ~ringAt(spot + 1);
-            if (settings == NOT_KNOWN) {
-                wanted = episode;
+        /**
+         * What a part of an episode came to, if that is known, or told by its slot alone. If not, it is 0, and a program may
+         * be wanted.
+         */
+        int simplePart(int episode, int place) {
+            boolean isBegun = heap.kindOf(episode) == BEGUN;
+            int note = heap.noteOf(episode);
+            int program = isBegun ? note & PROGRAM_MASK : heap.noteOf(note);
+            if (!store.isLoaded(program)) {
+                wanted = -program;
                 return 0;
             }
-            int first = spot + HEADER + ~ringAt(spot);
-            int at = hashOf(environment, place);
-            for (int i = 0; i < settings; i++) {
-                int setting = first + 3 * (at + i & settings - 1);
-                int found = ringAt(setting + 1);
-                if (found == 0) {
-                    return NONE;
-                }
-                if (found == ~place && ringAt(setting) == environment) {
-                    return ringAt(setting + 2);
-                }
+            if (!isBegun && place == placeOfPart(heap.at(note, ITEM), heap.at(note, NEXT))) {
+                int gift = heap.at(episode, ITEM);
+                return heap.kindOf(gift) == TESTS ? heap.at(gift, ITEM) : gift;
             }
-            return NONE;
+            int slot = store.word(program, place);
+            int content = slot >>> SLOT_SHIFT;
+            switch (slot & TAG_MASK) {
+                case CONSTANT:
+                case QUOTATION:
+                    return content;
+                case OTHER:
+                    int info = store.word(program, content + 1);
+                    switch (store.word(program, content)) {
+                        case LAMBDA:
+                            int address = program << OFFSET_BITS | content;
+                            return heap.make(CLOSURE, info, address, heap.at(episode, AROUND), heap.at(episode, STAMP));
+                        case QUOTE:
+                            return heap.make(QUOTED, 0, program << OFFSET_BITS | info, 0, 0);
+                        default:
+                            return NOTHING_CELL;
+                    }
+                default:
+                    return heap.known(episode, place);
+            }
+        }
+
+        private void want(int cell, int place) {
+            if (wanted == 0) {
+                wanted = cell;
+                wantedPlace = place;
+            }
+        }
+
+        /** What a variable of an environment is, if that is known; 0 if it must be looked for. */
+        int knownVariable(int environment, int place) {
+            int value = heap.known(environment, ~place);
+            if (value == 0) {
+                want(environment, ~place);
+            }
+            return value;
+        }
+
+        /** In which part of a form that has its slots at a place an episode went on; -1 if it began outside. */
+        int indexWithin(int episode, int content) {
+            int path = heap.kindOf(episode) == RESUMED ? heap.noteOf(episode) : 0;
+            int program = heap.noteOf(path);
+            int slot = heap.at(path, ITEM);
+            int index = heap.at(path, NEXT);
+            for (int i = 0; i < MAX_LEVEL && slot != 0; i++) {
+                int place = slot >>> SLOT_SHIFT;
+                if (place == content) {
+                    return index;
+                }
+                slot = store.word(program, place - 2);
+                index = store.word(program, place - 1);
+            }
+            return -1;
         }
 
         // ---- rows
 
         boolean isRow(int cell) {
             int cellKind = heap.kindOf(cell);
-            return cellKind >= ITEMS && cellKind <= LISTED;
+            return cellKind >= ITEMS && cellKind <= RESUMED;
         }
 
-        /** A value of a row; 0 if an episode, or the row as a whole, is wanted for it first. */
-        int look(int row, int index) {
+        /** A value of a row of the body, at a height, where its place in the code is known; 0 if it is wanted first. */
+        int look(int row, int height, int place) {
             int node = row;
-            int at = index;
-            int key = 0;
-            for (int i = 0; i < MAX_CELLS && key == 0; i++) {
-                switch (heap.kindOf(node)) {
-                    case ITEMS:
-                        if (at < NEAR) {
-                            return item(node, at);
-                        }
-                        key = node;
-                        break;
-                    case OWN:
-                        key = heap.at(node, ITEM);
-                        at += heap.at(node, NEXT);
-                        break;
-                    case JOINED:
-                        int count = heap.noteOf(node);
-                        boolean isAhead = at < count;
-                        at = isAhead ? at + (heap.at(node, EXTRA) & SKIP_MASK) : at - count;
-                        node = heap.at(node, isAhead ? ITEM : NEXT);
-                        break;
-                    case LISTED:
-                        int first = at < NEAR ? -1 : spotOf(node);
-                        int ahead = first < 0 ? 0 : ~ringAt(first) - 1;
-                        if (at >= NEAR && first < 0 || at < ahead) {
-                            key = node;
-                            break;
-                        }
-                        int tail = tailOf(first < 0 ? heap.at(node, ITEM) : ringAt(first + HEADER + ahead), at - ahead);
-                        node = heap.at(tail, ITEM);
-                        at = heap.at(tail, NEXT);
-                        if (heap.kindOf(tail) != VIEW || !isRow(node)) {
-                            return tail == 0 ? 0 : partOf(tail);
-                        }
-                        break;
-                    default:
-                        return at == 0 ? node : 0;
-                }
+            for (int i = 0; i < MAX_ROW && heap.kindOf(node) == JOINED && height < heap.at(node, EXTRA); i++) {
+                node = heap.at(node, NEXT);
             }
-            int spot = spotOf(key);
-            boolean isThere = spot >= 0 && at < ~ringAt(spot);
-            wanted = isThere ? wanted : key;
-            return isThere ? ringAt(spot + HEADER + at) : 0;
+            boolean isJoined = heap.kindOf(node) == JOINED;
+            int item = isJoined ? heap.at(node, ITEM) : node;
+            if (!isEpisode(item)) {
+                return plainAt(item, isJoined ? height - heap.at(node, EXTRA) : height);
+            }
+            int value = simplePart(item, place);
+            if (value == 0) {
+                want(item, place);
+            }
+            return value;
         }
 
-        private int item(int items, int index) {
-            int cell = items;
+        /** A value of a row that is held as it is. */
+        int plainAt(int row, int index) {
+            if (heap.kindOf(row) != ITEMS) {
+                return index == 0 ? row : 0;
+            }
+            int cell = row;
             for (int i = 0; i < index / 3; i++) {
                 cell = heap.noteOf(cell);
             }
-            return heap.at(cell, index % 3 + 1);
+            return index < 0 ? 0 : heap.at(cell, index % 3 + 1);
         }
 
-        /** Puts the values of a row into the ring, or parts of a list as far as its pairs go, and what is left of it. */
-        boolean unpack(int row) {
-            int count = 0;
-            boolean isList = heap.kindOf(row) == LISTED;
-            int cell = isList ? heap.at(row, ITEM) : row;
-            int most = isList ? heap.noteOf(row) : MAX_ROW;
-            for (int i = 0; i < most && heap.kindOf(cell) == (isList ? PAIR : ITEMS); i++) {
-                count += isList ? 1 : 3;
-                cell = isList ? heap.at(cell, REST) : heap.noteOf(cell);
+        /**
+         * A variable of an environment by the row that it is bound to, or a part of a list that is made of a row; 0 if it is
+         * wanted first.
+         */
+        int variable(int environment, int row, int index, boolean isList) {
+            int node = row;
+            int at = index;
+            boolean isOfList = isList;
+            if (heap.kindOf(node) == LISTED) {
+                if (at == heap.at(node, EXTRA)) {
+                    return heap.at(node, NEXT);
+                }
+                int tail = tailOf(heap.at(node, ITEM), at);
+                node = heap.at(tail, ITEM);
+                if (heap.kindOf(tail) != VIEW || !isRow(node)) {
+                    return tail == 0 ? 0 : partOf(tail);
+                }
+                at = heap.at(tail, NEXT);
+                isOfList = true;
             }
-            int spot = reserve(row, HEADER + count + 1);
-            if (spot < 0) {
-                return false;
+            int place = (heap.at(environment, EXTRA) >>> COUNT_BITS) + 1 + at;
+            if (heap.kindOf(node) == ARGUMENTS) {
+                int note = heap.noteOf(node);
+                if (!isOfList && (note & HAS_REST) != 0 && at == (note & COUNT_MASK)) {
+                    int count = note >>> COUNT_BITS + 1;
+                    return count > at ? heap.make(VIEW, count, node, at, 0) : EMPTY_CELL;
+                }
+                place = heap.at(node, NEXT) + 1 + at;
+                at = heap.at(node, NEXT) == 0 ? at : heap.at(node, EXTRA) + 1 + at;
+                node = heap.at(node, ITEM);
             }
-            putIntoRing(spot, ~(isList ? count + 1 : count));
-            putIntoRing(spot + 1, ~NOT_KNOWN);
-            putIntoRing(spot + HEADER + count, cell);
-            cell = isList ? heap.at(row, ITEM) : row;
-            for (int i = 0; i < count; i++) {
-                putIntoRing(spot + HEADER + i, heap.at(cell, isList ? FIRST : i % 3 + 1));
-                cell = isList ? heap.at(cell, REST) : i % 3 < 2 ? cell : heap.noteOf(cell);
+            for (int i = 0; i < MAX_ROW && heap.kindOf(node) == JOINED && at < heap.at(node, EXTRA); i++) {
+                node = heap.at(node, NEXT);
             }
-            return true;
+            at = heap.kindOf(node) == JOINED ? at - heap.at(node, EXTRA) : at;
+            node = heap.kindOf(node) == JOINED ? heap.at(node, ITEM) : node;
+            int cellKind = heap.kindOf(node);
+            if (cellKind != BEGUN && cellKind != RESUMED) {
+                return plainAt(node, at);
+            }
+            int value = simplePart(node, place);
+            wantedPlace = value == 0 && wanted == 0 ? place : wantedPlace;
+            wanted = value == 0 && wanted == 0 ? node : wanted;
+            return value;
         }
 
         /** A row that is held as it is: one value is its own row. */
@@ -3005,64 +2975,19 @@ public final class WindwardScheme {
             return items;
         }
 
-        int depthOf(int row) {
-            switch (heap.kindOf(row)) {
-                case OWN:
-                    return heap.at(row, EXTRA);
-                case JOINED:
-                    return heap.at(row, EXTRA) >>> DEPTH_BITS;
-                case LISTED:
-                    return heap.at(row, NEXT);
-                default:
-                    return 0;
-            }
-        }
-
-        /** The environment of the episodes that a row depends on; 0 if there is none, or if it is a row of a list. */
-        int environmentOf(int row) {
-            int node = row;
-            for (int i = 0; i < MAX_ROW && heap.kindOf(node) == JOINED; i++) {
-                int behind = heap.at(node, NEXT);
-                node = depthOf(behind) > 0 ? behind : heap.at(node, ITEM);
-            }
-            return heap.kindOf(node) == OWN ? heap.at(heap.at(node, ITEM), AROUND) : 0;
-        }
-
-        /** Lets a row that depends on episodes be so deep. */
-        void setDepth(int row, int depth) {
-            if (heap.kindOf(row) == OWN) {
-                heap.put(row, EXTRA, depth);
-            } else if (heap.kindOf(row) == JOINED) {
-                heap.put(row, EXTRA, heap.at(row, EXTRA) & SKIP_MASK | depth << DEPTH_BITS);
-            }
-        }
-
-        /** Lets a row that depends on episodes be these values from now on. */
-        void makePlain(int row, int items, int count) {
-            heap.remake(row, JOINED, count, items, 0);
-            heap.put(row, EXTRA, 0);
-        }
-
-        /** So many values of a row, and those of another one behind them. */
-        int joined(int row, int count, int behind) {
-            if (count == 0) {
-                return behind;
-            }
-            int depth = Math.max(depthOf(row), depthOf(behind));
-            return heap.make(JOINED, count, row, behind, depth << DEPTH_BITS);
-        }
-
-        /** A row of the first parts of a list. */
-        int rowOfList(int list, int count) {
+        /** A row of the first parts of a list, and perhaps of what is left of it. */
+        int rowOfList(int list, int count, boolean hasRest) {
+            int rest = hasRest ? copyOf(tailOf(list, count)) : 0;
             int left = list;
             gathered.used = 0;
-            for (int i = 0; i < count && count <= MOST_GATHERED && wanted == 0; i++) {
+            for (int i = 0; i < count && count <= MOST_PLAIN && wanted == 0; i++) {
                 gathered.add(firstOf(left));
                 left = restOf(left);
             }
-            boolean isPlain = count <= MOST_GATHERED && wanted == 0;
+            boolean isPlain = count <= MOST_PLAIN && wanted == 0;
             wanted = 0;
-            return isPlain ? plain(gathered, 0, count) : heap.make(LISTED, count, list, depthOfList(list), 0);
+            gathered.put(count, rest);
+            return isPlain ? plain(gathered, 0, hasRest ? count + 1 : count) : heap.make(LISTED, 0, list, rest, count);
         }
 
         // ---- the body at hand
@@ -3074,6 +2999,7 @@ public final class WindwardScheme {
             times.used = 0;
             episodes.used = 0;
             base.used = 0;
+            built = 0;
         }
 
         void beginBody(int program, int slot) {
@@ -3098,6 +3024,8 @@ public final class WindwardScheme {
             paths.put(last, path);
             gifts.put(last, value);
             times.put(last, nextStamp());
+            testsOfBody.put(2 * last, 1);
+            testsOfBody.put(2 * last + 1, 0);
             episodes.put(last, 0);
             begins.used = last + 1;
             paths.used = last + 1;
@@ -3114,13 +3042,8 @@ public final class WindwardScheme {
             return begins.used;
         }
 
-        /** No episode of the body at hand began ahead of this stamp. */
-        int oldestStamp() {
-            return begins.used > 0 ? times.get(0) : stamps;
-        }
-
         int base() {
-            return base.get(0);
+            return base.used > 0 ? base.get(0) : 0;
         }
 
         int beginOfLast() {
@@ -3136,71 +3059,50 @@ public final class WindwardScheme {
             if (episode == 0) {
                 int path = paths.get(index);
                 int stamp = times.get(index);
-                episode = path == 0
-                        ? heap.make(BEGUN, begun.get(0), begun.get(1), environment, stamp)
-                        : heap.make(RESUMED, path, gifts.get(index), environment, stamp);
+                int low = testsOfBody.get(2 * index);
+                int high = testsOfBody.get(2 * index + 1);
+                int gift = gifts.get(index);
+                if (path == 0) {
+                    int tests = high != 0 || low >>> NOTE_BITS - PROGRAM_BITS != 0 ? 0 : low;
+                    episode = heap.make(BEGUN, begun.get(0) | tests << PROGRAM_BITS, begun.get(1), environment, stamp);
+                } else {
+                    gift = high != 0 || low >>> 1 != 0 ? heap.make(TESTS, 0, gift, low, high) : gift;
+                    episode = heap.make(RESUMED, path, gift, environment, stamp);
+                }
                 episodes.put(index, episode);
-                latest = Math.max(latest, stamp);
+                isGlobalSeen = true;
+                int around = environment;
+                for (int i = 0; i < MAX_LEVEL && around != 0; i++) {
+                    heap.setNote(around, heap.noteOf(around) | SEEN);
+                    around = heap.at(around, NEXT);
+                }
             }
             return episode;
         }
 
-        /**
-         * A row of the values that wait between two heights, where the stack has those from below on. If it depends on
-         * episodes, the depth is that of those of the body at hand.
-         */
-        int rowOf(int below, int from, int to, int environment, int depth) {
-            int gatheredRow = to - from <= MOST_GATHERED ? gather(below, from, to) : 0;
-            if (gatheredRow != 0 || from >= to) {
-                return gatheredRow;
-            }
-            int row = 0;
-            int own = from; // the first value that is not in the row yet
-            if (from < below) {
-                own = Math.min(below, to);
-                int place = depthOf(base.get(0)) << DEPTH_BITS | from;
-                row = from == 0 ? base.get(0) : heap.make(JOINED, own - from, base.get(0), 0, place);
-            }
-            int at = own;
-            for (int i = 0; i < begins.used && at < to; i++) {
+        /** A row of the values that wait up to a height, where the stack has those from below on. */
+        int rowUpTo(int to, int below, int environment) {
+            int row = base();
+            for (int i = 0; i < begins.used && begins.get(i) < to; i++) {
+                int from = begins.get(i);
                 int end = i + 1 < begins.used ? Math.min(to, begins.get(i + 1)) : to;
-                if (end > at && isLarge(stack, at - below, end - at, times.get(i))) {
-                    row = at > own ? joined(row, own - from, plain(stack, own - below, at - own)) : row;
-                    int episode = episodeAt(i, environment);
-                    row = joined(row, at - from, heap.make(OWN, 0, episode, at - begins.get(i), depth));
-                    int known = spotOf(episode);
-                    if (known < 0 || ~ringAt(known) < end - begins.get(i)) {
-                        remember(episode, stack, begins.get(i) - below, end - begins.get(i), NOT_KNOWN);
-                    }
-                    own = end;
+                if (end > from) {
+                    boolean isPlain = from >= below && episodes.get(i) == 0 && areFew(from - below, end - from);
+                    int item = isPlain ? plain(stack, from - below, end - from) : episodeAt(i, environment);
+                    row = from == 0 ? item : heap.make(JOINED, 0, item, row, from);
                 }
-                at = Math.max(at, end);
             }
-            return own < to ? joined(row, own - from, plain(stack, own - below, to - own)) : row;
+            return row;
         }
 
-        /** A row that is held as it is, of a few values; 0 if they take too many cells, or an episode is wanted for one. */
-        private int gather(int below, int from, int to) {
-            gathered.used = 0;
-            for (int i = from; i < to; i++) {
-                int value = i < below ? look(base.get(0), i) : stack.get(i - below);
-                if (value == 0) {
-                    wanted = 0;
-                    return 0;
-                }
-                gathered.add(value);
+        /** Whether so many values of the stack take few cells if they are held as they are. */
+        boolean areFew(int first, int count) {
+            int cells = count > 1 ? 1 : 0;
+            for (int i = first; i < first + count && count <= MOST_PLAIN; i++) {
+                int cellKind = heap.kindOf(stack.get(i));
+                cells += cellKind == CLOSURE || cellKind == VIEW || cellKind == QUOTED ? 1 : 0;
             }
-            return isLarge(gathered, 0, to - from, oldestStamp()) ? 0 : plain(gathered, 0, to - from);
-        }
-
-        /** Whether values take many cells, with those of closures that were made behind this stamp. */
-        private boolean isLarge(Row row, int first, int count, int stamp) {
-            int cells = count == 1 ? 0 : (count + 2) / 3;
-            for (int i = first; i < first + count && cells <= MOST_PLAIN; i++) {
-                int value = row.get(i);
-                cells += heap.kindOf(value) == CLOSURE && heap.at(value, STAMP) > stamp ? 1 : 0;
-            }
-            return cells > MOST_PLAIN;
+            return count <= MOST_PLAIN && cells <= MOST_CELLS;
         }
 
         // ---- lists
@@ -3213,7 +3115,8 @@ public final class WindwardScheme {
         /** The first part of a pair; 0 if something is wanted for it first. */
         int firstOf(int pair) {
             int base = heap.at(pair, ITEM);
-            return heap.kindOf(pair) == VIEW && isRow(base) ? look(base, heap.at(pair, NEXT)) : partOf(pair);
+            boolean isOfRow = heap.kindOf(pair) == VIEW && isRow(base);
+            return isOfRow ? variable(0, base, heap.at(pair, NEXT), true) : partOf(pair);
         }
 
         /** The first part of a pair that is not of a row; 0 if a program is wanted for it first. */
@@ -3304,22 +3207,11 @@ public final class WindwardScheme {
             }
         }
 
-        /** A new list of the values of a row. */
-        int listOf(int row, int count) {
-            return heap.make(VIEW, count, row, 0, nextStamp());
-        }
-
         /** A new pair, which bears the length of its list, if that is known, so that it is not counted again and again. */
         int pairOf(int first, int rest) {
             int length = quickLength(rest);
             int measure = length >= 0 ? NO_LENGTH - 2 - length : length == NO_LENGTH ? length : 0;
-            return heap.make(PAIR, depthOfList(rest), first, rest, measure);
-        }
-
-        private int depthOfList(int list) {
-            int base = heap.kindOf(list) == VIEW ? heap.at(list, ITEM) : list;
-            boolean isMade = heap.kindOf(base) == PAIR && heap.at(base, MEASURE) <= 0;
-            return isMade ? heap.noteOf(base) : isRow(base) ? depthOf(base) : 0;
+            return heap.make(PAIR, 0, first, rest, measure);
         }
 
         /** The length of a list if it is known; NO_LENGTH if it is no list, UNKNOWN_LENGTH if it must be counted. */
@@ -3431,70 +3323,56 @@ public final class WindwardScheme {
     }
 
     /**
-     * The variables: what they are set to, and what they were when an episode began that is evaluated again.
+     * The variables: what they are set to, and what they were at the time of an episode that is looked at again.
      *
      * <p>What an episode sets are its settings, up to its end; then they become versions of the variables, as something may
-     * look back: a SETTING of one variable; the SETTINGS of an episode, if there are more; or ALL_SET, the values of all
-     * variables. The newest version stands in place of the row in the environment, and each one knows the one before; its
-     * stamp is that of the episode that set it. The global variables are an environment, too, 0.
+     * look back: a SETTING of one variable; the SETTINGS of an episode, if there are more, which are looked for in its code;
+     * or ALL_SET, the values of all variables. The newest version stands in place of the row in the environment, each one
+     * knows the one before, and the row is the last; a stamp is that of the episode that set it. The global variables are an
+     * environment, too, 0.
      *
      * <p>Environments of which variables are set together again and again are a group: an episode makes one cell for all of
      * them, GROUP_SETTINGS, and GROUPED is the version of each one. What it was before it came to the group is before that.
      */
     private static final class Variables {
-        static final int NOW = Integer.MAX_VALUE;
         private static final int MOST_SETTINGS = 2;
+        private static final int MOST_AT_END = 6;
         private static final int MASK_BITS = 23;
         private static final int HEADS = 1024;
         private static final int HEADS_SHIFT = 22;
         private static final int MEMOS = 64;
         private static final int MEMO_SHIFT = 26;
-        // How deep rows and versions may be, and how many versions there may be until all variables are held again: more of
-        // them if there are more variables.
-        private static final int LEAST_DEPTH = 32;
-        private static final int MORE_DEPTH = 64;
-        private static final int LEAST_LENGTH = 4;
-        private static final int LEAST_EPISODES = 8;
-        private static final int MORE_EPISODES = 40;
-        private static final int MOST_GLOBAL = 24;
-        private static final int LENGTH_MASK = 4095;
-        private static final int NOTE_DEPTH_SHIFT = 12;
-        private static final int MOST_NOTE_DEPTH = 2047;
+        // How many versions there may be until all variables are held: more of them if there are more variables.
+        private static final int LEAST_LENGTH = 32;
+        private static final int MOST_GLOBAL = 64;
         private static final int MOST_LOOKED = 256;
         private static final int MAX_PLACES = 2048;
         private static final int FEW_TOGETHER = 3; // environments that become a group
         private static final int MEMO = 4;
-        static final int SEARCH = 4;
+        static final int VERSION_FOUND = 2;
+        static final int MEMBER_FOUND = 3;
 
         private final Heap heap;
         private final Store store;
         private final Values values;
-        int time; // NOW, or the stamp of the episode that is evaluated again
-        // The settings of the episode at hand, from first on, and of those that wait for it; found by their variables.
+        // The settings of the episode at hand; found by their variables.
         private final Row environments;
         private final Row places;
         private final Row contents;
         private final Row nexts;
         private final Row heads;
-        int first;
-        private boolean isGlobalSet; // in the episode at hand, now
         private final Row newest; // of the global variables
         private int length; // how many versions there are since all global variables were held
-        private int depth;
-        private boolean isGlobalDue;
         int filling; // an environment whose variables are to be held as they are; or 0
         private final Row filled;
         // Where the version of an environment was found last.
         private final Row memos;
         private int memoCollections;
-        // How far a variable was looked for when an episode was wanted: its environment, its place, the version, its group.
-        final Row search;
 
         Variables(Heap heap, Store store, Values values) {
             this.heap = heap;
             this.store = store;
             this.values = values;
-            time = NOW;
             environments = heap.newRoots(16, MAX_ROW);
             places = new Row(16, MAX_ROW);
             contents = heap.newRoots(16, MAX_ROW);
@@ -3503,7 +3381,6 @@ public final class WindwardScheme {
             newest = heap.newRoots(1, 1);
             filled = heap.newRoots(16, MAX_SIZE);
             memos = new Row(MEMO * MEMOS, MEMO * MEMOS);
-            search = new Row(SEARCH, SEARCH);
             environments.used = 0;
             contents.used = 0;
             filled.used = 0;
@@ -3528,8 +3405,8 @@ public final class WindwardScheme {
 
         /** The setting of a variable in the episode at hand; -1 if there is none. */
         private int settingOf(int environment, int place) {
-            int setting = environments.used > first ? heads.get(headOf(environment, place)) - 1 : -1;
-            for (int i = 0; i < MAX_ROW && setting >= first; i++) {
+            int setting = environments.used > 0 ? heads.get(headOf(environment, place)) - 1 : -1;
+            for (int i = 0; i < MAX_ROW && setting >= 0; i++) {
                 if (places.get(setting) == place && environments.get(setting) == environment) {
                     return setting;
                 }
@@ -3559,29 +3436,19 @@ public final class WindwardScheme {
             contents.put(setting, value);
         }
 
-        /** Lets a symbol be something else, if this is not evaluated again. */
-        void define(int symbol, int meaning, int content) {
-            if (time == NOW) {
-                store.define(symbol, meaning, content);
-                isGlobalSet = true;
+        private void forgetSettings() {
+            for (int i = environments.used - 1; i >= 0; i--) {
+                heads.put(headOf(environments.get(i), places.get(i)), 0);
             }
-        }
-
-        void forgetSettings() {
-            for (int i = environments.used - 1; i >= first; i--) {
-                heads.put(headOf(environments.get(i), places.get(i)), nexts.get(i));
-            }
-            environments.used = first;
-            contents.used = first;
+            environments.used = 0;
+            contents.used = 0;
         }
 
         /** Forgets all that is at hand. */
         void forgetAll() {
             forgetSettings();
-            isGlobalSet = false;
             filling = 0;
             filled.used = 0;
-            search.put(2, 0);
             values.wanted = 0;
         }
 
@@ -3589,50 +3456,34 @@ public final class WindwardScheme {
             return environments.used;
         }
 
-        /** Keeps what the episode at hand came to, where its values begin in the stack; whether that could be. */
-        boolean remember(int episode, int begin) {
-            int count = environments.used - first;
-            int settings = count == 0 ? 0 : 2;
-            for (int i = 0; i < 31 && settings < 2 * count; i++) {
-                settings *= 2;
-            }
-            int spot = values.remember(episode, values.stack, begin, values.stack.used - begin, settings);
-            for (int i = first; i < environments.used && spot >= 0; i++) {
-                values.rememberSetting(spot, settings, environments.get(i), places.get(i), contents.get(i));
-            }
-            return spot >= 0;
-        }
-
         /**
          * Lets the settings of the episode at hand be versions, as it ends. If they are many, they are looked for in the
-         * episode, of which the values begin in the stack at a place; but not if it cannot be evaluated again up to its end.
-         * When a body ends, nothing of it is evaluated again, so they may take the place of those that nothing looks at.
+         * episode; but not if its code does not tell where it ended. When a body ends, nothing of it is looked at again, so
+         * they may take the place of those that nothing looks at.
          */
-        void commit(int environment, int begin, boolean canBeAgain, boolean isEndOfBody) {
+        void commit(int environment, boolean canBeAgain, boolean isEndOfBody) {
+            for (int i = 0; i < environments.used; i++) {
+                if (environments.get(i) != 0) {
+                    heap.know(environments.get(i), ~places.get(i), contents.get(i));
+                }
+            }
             if (isEndOfBody) {
                 replaceVersions();
             }
-            boolean areMany = canBeAgain && environments.used > MOST_SETTINGS;
+            boolean areMany = canBeAgain && environments.used > (isEndOfBody ? MOST_AT_END : MOST_SETTINGS);
             int episode = areMany ? values.lastEpisode(environment) : 0;
-            int newDepth = areMany ? 1 + depthAround(environment) : 0;
             int repeated = 0;
             for (int i = 0; i < environments.used; i++) {
-                repeated += addVersion(i, episode, newDepth) ? 1 : 0;
+                repeated += addVersion(i, episode) ? 1 : 0;
             }
             if (repeated >= FEW_TOGETHER) {
                 joinGroup();
             }
-            if (areMany) {
-                remember(episode, begin);
-            }
-            if (length > MOST_GLOBAL || isGlobalDue) {
+            if (length > MOST_GLOBAL) {
                 hold(0, globalRow());
                 length = 0;
-                depth = 0;
-                isGlobalDue = false;
             }
             forgetSettings();
-            isGlobalSet = false;
         }
 
         /** Lets settings take the place of versions that no episode looks at; if that can be for all of them, none is left. */
@@ -3649,12 +3500,17 @@ public final class WindwardScheme {
             }
         }
 
-        /** The version of a variable that was set whose value may be another one; 0 if there is none. */
+        /**
+         * The version of a variable that was set whose value may be another one, as no episode was made that sees it; 0 if
+         * there is none.
+         */
         private int replaceable(int setting) {
             int environment = environments.get(setting);
-            int version = newestOf(environment, false);
+            int version = newestOf(environment);
+            int stamp = heap.at(version, STAMP);
             boolean isAlone = countOf(environment) == 1;
-            for (int i = 0; i < MAX_PLACES && isVersion(version) && heap.at(version, STAMP) >= values.latest; i++) {
+            boolean isSeen = environment == 0 ? values.isGlobalSeen : (heap.noteOf(environment) & SEEN) != 0;
+            for (int i = 0; i < MAX_PLACES && !isSeen && isVersion(version) && heap.at(version, STAMP) == stamp; i++) {
                 int cellKind = heap.kindOf(version);
                 boolean isOfIt = cellKind == SETTING && heap.noteOf(version) == places.get(setting);
                 if (isOfIt || isAlone && cellKind == ALL_SET) {
@@ -3666,19 +3522,18 @@ public final class WindwardScheme {
         }
 
         /** Lets a setting be a version, or be among those of the episode; 0 is none. Whether others were so the last time. */
-        private boolean addVersion(int setting, int episode, int newDepth) {
+        private boolean addVersion(int setting, int episode) {
             int target = environments.get(setting);
             int place = places.get(setting);
             int stamp = values.lastStamp();
-            int before = newestOf(target, true);
+            int before = newestOf(target);
             int bit = 1 << place % MASK_BITS;
-            boolean isAlone = countOf(target) == 1;
             if (episode != 0 && heap.kindOf(before) == GROUPED) {
                 int settings = groupSettings(heap.noteOf(before), episode, stamp);
                 heap.setNote(settings, heap.noteOf(settings) | 1 << bitOf(target, place));
                 if (heap.at(before, ITEM) != settings) {
                     heap.put(before, ITEM, settings);
-                    note(target, true, newDepth);
+                    note(target);
                 }
                 return false;
             }
@@ -3686,14 +3541,14 @@ public final class WindwardScheme {
                 heap.setNote(before, heap.noteOf(before) | bit);
                 return false;
             }
-            if (episode == 0 && isAlone) {
+            if (episode == 0 && countOf(target) == 1) {
                 setNewest(target, heap.make(ALL_SET, fullAt(before), contents.get(setting), before, stamp));
                 return false;
             }
             setNewest(target, episode == 0
                     ? heap.make(SETTING, place, contents.get(setting), before, stamp)
                     : heap.make(SETTINGS, bit, episode, before, stamp));
-            note(target, episode != 0, newDepth);
+            note(target);
             return episode != 0 && target != 0 && heap.kindOf(before) == SETTINGS;
         }
 
@@ -3718,12 +3573,12 @@ public final class WindwardScheme {
             int stamp = values.lastStamp();
             int group = 0;
             for (int i = 0; i < environments.used && group == 0; i++) {
-                int version = newestOf(environments.get(i), false);
+                int version = newestOf(environments.get(i));
                 group = heap.kindOf(version) == GROUPED ? heap.noteOf(version) : 0;
             }
             group = group == 0 ? heap.make(GROUP, 0, 0, 0, 0) : group;
             for (int i = 0; i < environments.used; i++) {
-                int version = newestOf(environments.get(i), false);
+                int version = newestOf(environments.get(i));
                 boolean isRepeated = heap.kindOf(version) == SETTINGS && heap.kindOf(heap.at(version, NEXT)) == SETTINGS;
                 if (environments.get(i) != 0 && isRepeated) {
                     setNewest(environments.get(i), heap.make(GROUPED, group, 0, version, stamp));
@@ -3744,46 +3599,45 @@ public final class WindwardScheme {
             return cellKind >= SETTING && cellKind <= ALL_SET;
         }
 
-        /** The newest version of the variables of an environment; one must be made if there is only their row. */
-        private int newestOf(int environment, boolean isMade) {
-            int version = environment == 0 ? newest.get(0) : heap.at(environment, ITEM);
-            if (isMade && !isVersion(version)) {
-                version = heap.make(ALL_SET, 0, version, 0, 0);
-                heap.put(environment, ITEM, version);
-            }
-            return version;
+        /** The newest version of the variables of an environment; their row if they were never set. */
+        int newestOf(int environment) {
+            return environment == 0 ? newest.get(0) : heap.at(environment, ITEM);
         }
 
         private void setNewest(int environment, int version) {
             if (environment == 0) {
                 newest.put(0, version);
+                values.isGlobalSeen = false;
             } else {
                 heap.put(environment, ITEM, version);
+                heap.setNote(environment, heap.noteOf(environment) & ~SEEN);
             }
         }
 
-        /** Notes that there is one version more; if there are many, all variables are to be held again. */
-        private void note(int environment, boolean isEpisode, int newDepth) {
-            int count = countOf(environment);
-            int most = LEAST_LENGTH + count / 3;
-            int weight = isEpisode ? 1 + most / (LEAST_EPISODES + Math.min(MORE_EPISODES, count / 4)) : 1;
+        /** How many variables an environment has. */
+        private int countOf(int environment) {
+            if (environment == 0) {
+                return SYMBOLS;
+            }
+            return heap.kindOf(environment) == ONE_ENVIRONMENT ? 1 : heap.at(environment, EXTRA) & COUNT_MASK;
+        }
+
+        /** Notes that there is one version more; if there are many, all variables are to be held. */
+        private void note(int environment) {
             if (environment == 0) {
                 length++;
-                depth = Math.max(depth, newDepth);
                 return;
             }
-            int noted = heap.noteOf(environment);
-            int versions = Math.min(LENGTH_MASK, (noted & LENGTH_MASK) + weight);
-            int deepest = Math.min(MOST_NOTE_DEPTH, Math.max(noted >>> NOTE_DEPTH_SHIFT, newDepth));
-            heap.setNote(environment, versions | deepest << NOTE_DEPTH_SHIFT);
-            if (versions > (heap.kindOf(newestOf(environment, false)) == GROUPED ? Math.max(most, MORE_EPISODES) : most)) {
-                fill(environment);
+            heap.setNote(environment, heap.noteOf(environment) + 1);
+            if ((heap.noteOf(environment) & ~SEEN) > Math.max(LEAST_LENGTH, countOf(environment))) {
+                filling = environment;
+                filled.used = 0;
             }
         }
 
         /** Lets the newest version hold all variables; a group is left for that. */
         private void hold(int environment, int row) {
-            int version = newestOf(environment, false);
+            int version = newestOf(environment);
             if (heap.kindOf(version) == GROUPED) {
                 int stamp = Math.max(heap.at(version, STAMP), heap.at(heap.at(version, ITEM), STAMP));
                 setNewest(environment, heap.make(ALL_SET, fullAt(version), row, version, stamp));
@@ -3792,13 +3646,50 @@ public final class WindwardScheme {
             }
         }
 
-        /** The version in which all variables are held that is the newest one, from one on. */
+        /** The version in which all variables are held that is the newest one, from one on; 0 if there is none. */
         private int fullAt(int version) {
             int full = version;
-            for (int i = 0; i < MAX_ROW && full != 0 && heap.kindOf(full) != ALL_SET; i++) {
+            for (int i = 0; i < MAX_ROW && isVersion(full) && heap.kindOf(full) != ALL_SET; i++) {
                 full = heap.at(full, NEXT);
             }
-            return full;
+            return isVersion(full) ? full : 0;
+        }
+
+        /**
+         * Goes on with letting the variables of an environment be held as they are. Those that no version set since all were
+         * held are looked for where that was.
+         */
+        void goOnFilling() {
+            int count = countOf(filling);
+            int masks = 0;
+            int groupMasks = 0;
+            int member = 0;
+            int version = newestOf(filling);
+            for (int i = 0; i < MAX_STEPS && isInChain(version) && heap.kindOf(version) != ALL_SET; i++) {
+                int cellKind = heap.kindOf(version);
+                int mask = heap.noteOf(version);
+                masks |= cellKind == SETTINGS ? mask : cellKind == SETTING ? 1 << mask % MASK_BITS : 0;
+                groupMasks |= cellKind == GROUP_SETTINGS ? mask : 0;
+                member = cellKind == GROUPED ? version : member;
+                version = before(version, member);
+            }
+            int row = heap.kindOf(version) == ALL_SET ? heap.at(version, ITEM) : version;
+            for (int i = 0; i < MOST_LOOKED && filled.used < count; i++) {
+                int place = filled.used;
+                boolean isSet = ((masks >> place % MASK_BITS | groupMasks >> bitOf(filling, place)) & 1) != 0;
+                int value = isSet ? valueOf(filling, place) : values.variable(filling, row, place, false);
+                if (values.wanted != 0) {
+                    return;
+                }
+                filled.add(value);
+            }
+            if (filled.used < count) {
+                return;
+            }
+            hold(filling, values.plain(filled, 0, count));
+            heap.setNote(filling, heap.noteOf(filling) & SEEN);
+            filling = 0;
+            filled.used = 0;
         }
 
         // ---- values
@@ -3817,63 +3708,70 @@ public final class WindwardScheme {
         }
 
         /**
-         * What a variable is, but for what the episode at hand set it to; 0 if it has no value, or if an episode is wanted
-         * first.
+         * What a variable is now, but for what the episode at hand set it to, if it is none that is global; 0 if it has no
+         * value, or if something is wanted first.
          */
         int valueOf(int environment, int place) {
-            int version = newestOf(environment, false);
-            if (environment == 0 && (time == NOW || !isGlobalSet && heap.at(version, STAMP) < time)) {
+            if (environment == 0) {
                 return store.globalValue(place);
             }
+            int version = newestOf(environment);
             if (!isVersion(version)) {
-                return values.look(version, place);
+                return values.variable(environment, version, place, false);
             }
-            boolean isBegun = search.get(2) != 0 && search.get(0) == environment && search.get(1) == place;
-            int memo = isBegun || time == NOW ? 0 : memoThen(environment, version);
-            int member = isBegun ? search.get(3) : time == NOW ? 0 : memos.get(memo + 3);
-            version = isBegun ? search.get(2) : time == NOW ? version : memos.get(memo + 2);
-            search.put(2, 0);
-            for (int i = 0; i < MAX_STEPS && version != 0; i++) {
-                int cellKind = heap.kindOf(version);
-                if (cellKind == ALL_SET) {
-                    return values.look(heap.at(version, ITEM), place);
-                }
-                if (cellKind == SETTING && heap.noteOf(version) == place) {
+            for (int i = 0; i < LEAST_LENGTH && heap.kindOf(version) == SETTING; i++) {
+                if (heap.noteOf(version) == place) {
                     return heap.at(version, ITEM);
                 }
-                int bit = cellKind == SETTINGS ? place % MASK_BITS : bitOf(environment, place);
-                boolean isOfEpisode = cellKind == SETTINGS || cellKind == GROUP_SETTINGS;
-                if (isOfEpisode && (heap.noteOf(version) >> bit & 1) != 0) {
-                    int found = values.settingOf(heap.at(version, ITEM), environment, place);
-                    if (values.wanted != 0) {
-                        search.put(0, environment);
-                        search.put(1, place);
-                        search.put(2, version);
-                        search.put(3, member);
-                    }
-                    if (found != Values.NONE) {
-                        return found;
-                    }
-                }
-                member = cellKind == GROUPED ? version : member;
-                int before = heap.at(version, cellKind == GROUPED ? ITEM : NEXT);
-                boolean isInGroup = cellKind == GROUPED || cellKind == GROUP_SETTINGS;
-                version = isInGroup ? settingsOrBefore(before, member) : before;
+                version = heap.at(version, NEXT);
             }
-            return 0;
+            return heap.kindOf(version) == ALL_SET
+                    ? values.plainAt(heap.at(version, ITEM), place)
+                    : values.knownVariable(environment, place);
         }
 
-        /** Where the newest version is noted, and its group, of when the episode began that is evaluated again. */
-        private int memoThen(int environment, int newestVersion) {
+        /** Whether a cell is one of a chain of versions, and not the row at its end. */
+        boolean isInChain(int cell) {
+            int cellKind = heap.kindOf(cell);
+            return cellKind >= SETTING && cellKind <= GROUP_SETTINGS && cellKind != GROUP;
+        }
+
+        /** Whether a variable may have been set in a version. */
+        boolean mayBeSet(int version, int environment, int place) {
+            switch (heap.kindOf(version)) {
+                case SETTING:
+                    return heap.noteOf(version) == place;
+                case SETTINGS:
+                    return (heap.noteOf(version) >> place % MASK_BITS & 1) != 0;
+                case GROUP_SETTINGS:
+                    return (heap.noteOf(version) >> bitOf(environment, place) & 1) != 0;
+                default:
+                    return heap.kindOf(version) == ALL_SET;
+            }
+        }
+
+        /** What is before a version, where it is one of a group by this member. */
+        int before(int version, int member) {
+            boolean isGrouped = heap.kindOf(version) == GROUPED;
+            int before = heap.at(version, isGrouped ? ITEM : NEXT);
+            return isGrouped || heap.kindOf(version) == GROUP_SETTINGS ? settingsOrBefore(before, member) : before;
+        }
+
+        int sought(int memo, int which) {
+            return memos.get(memo + which);
+        }
+
+        /** Where the newest version is noted, and its group, of those that are older than this time. */
+        int seek(int environment, int time) {
             if (memoCollections != heap.collections) {
                 memos.fillWithZeros();
                 memoCollections = heap.collections;
             }
             int memo = MEMO * (environment * 0x9E3779B1 >>> MEMO_SHIFT);
             boolean isKnown = memos.get(memo) == environment + 1 && time <= memos.get(memo + 1);
-            int version = isKnown ? memos.get(memo + 2) : newestVersion;
-            int member = isKnown ? memos.get(memo + 3) : 0;
-            for (int i = 0; i < MAX_STEPS && version != 0; i++) {
+            int version = isKnown ? memos.get(memo + VERSION_FOUND) : newestOf(environment);
+            int member = isKnown ? memos.get(memo + MEMBER_FOUND) : 0;
+            for (int i = 0; i < MAX_STEPS && isInChain(version); i++) {
                 int cellKind = heap.kindOf(version);
                 boolean isLater = heap.at(version, STAMP) >= time;
                 if (!isLater && cellKind != GROUPED) {
@@ -3888,130 +3786,9 @@ public final class WindwardScheme {
             }
             memos.put(memo, environment + 1);
             memos.put(memo + 1, time);
-            memos.put(memo + 2, version);
-            memos.put(memo + 3, member);
+            memos.put(memo + VERSION_FOUND, version);
+            memos.put(memo + MEMBER_FOUND, member);
             return memo;
-        }
-
-        // ---- how deep the variables are
-
-        /** How many variables an environment has. */
-        private int countOf(int environment) {
-            if (environment == 0) {
-                return SYMBOLS;
-            }
-            return heap.kindOf(environment) == ONE_ENVIRONMENT ? 1 : heap.at(environment, EXTRA);
-        }
-
-        private int depthAt(int environment) {
-            return Math.max(values.depthOf(rowOf(environment)), heap.noteOf(environment) >>> NOTE_DEPTH_SHIFT);
-        }
-
-        /** How many episodes must be evaluated again at most, one for the other, for a variable that is seen here. */
-        int depthAround(int environment) {
-            int deepest = depth;
-            int around = environment;
-            for (int i = 0; i < MAX_LEVEL && around != 0; i++) {
-                deepest = Math.max(deepest, depthAt(around));
-                around = heap.at(around, NEXT);
-            }
-            return deepest;
-        }
-
-        /** Whether no variables that are seen here are too deep; otherwise some are to be filled. */
-        boolean areShallow(int environment) {
-            int around = environment;
-            for (int i = 0; i < MAX_LEVEL && around != 0; i++) {
-                int most = LEAST_DEPTH + Math.min(MORE_DEPTH, countOf(around) / 4);
-                most = Math.min(most, values.mostAtOnce() / 2);
-                if (depthAt(around) > most && !isLessDeep(around, most)) {
-                    return false;
-                }
-                around = heap.at(around, NEXT);
-            }
-            return true;
-        }
-
-        /**
-         * Whether an environment is less deep than was noted, since another one that it depends on has been filled; if not,
-         * one that is half way down is to be filled, so that others that depend on that one are less deep, too.
-         */
-        private boolean isLessDeep(int environment, int most) {
-            filled.used = 0;
-            int source = environment;
-            for (int i = 0; i <= most / 2 && source != 0; i++) {
-                filled.add(source);
-                source = sourceOf(source);
-            }
-            for (int i = filled.used - 2; i >= 0; i--) {
-                values.setDepth(rowOf(filled.get(i)), 1 + depthAround(values.environmentOf(rowOf(filled.get(i)))));
-            }
-            int last = filled.get(filled.used - 1);
-            if (depthAt(environment) <= most) {
-                return true;
-            }
-            isGlobalDue = isGlobalDue || depth > most / 2;
-            fill(depthAt(last) > 0 ? last : environment);
-            return false;
-        }
-
-        /** The row of an environment, or that of the newest version in which all variables are held. */
-        private int rowOf(int environment) {
-            int version = heap.at(environment, ITEM);
-            int cellKind = heap.kindOf(version);
-            for (int i = 0; i < MAX_ROW && cellKind >= SETTING && cellKind <= GROUPED; i++) {
-                version = heap.at(version, NEXT);
-                cellKind = heap.kindOf(version);
-            }
-            return cellKind == ALL_SET ? heap.at(version, ITEM) : version;
-        }
-
-        /** The deepest environment that the row of an environment depends on; 0 if it is not for its row that it is deep. */
-        private int sourceOf(int environment) {
-            int row = rowOf(environment);
-            int deepest = 0;
-            if (values.depthOf(row) > heap.noteOf(environment) >>> NOTE_DEPTH_SHIFT) {
-                int around = values.environmentOf(row);
-                for (int i = 0; i < MAX_LEVEL && around != 0; i++) {
-                    deepest = deepest == 0 || depthAt(around) > depthAt(deepest) ? around : deepest;
-                    around = heap.at(around, NEXT);
-                }
-            }
-            return deepest;
-        }
-
-        private void fill(int environment) {
-            filling = environment;
-            filled.used = 0;
-        }
-
-        /** Goes on with letting the variables of an environment be held as they are. */
-        void goOnFilling() {
-            int version = heap.at(filling, ITEM);
-            int full = isVersion(version) ? fullAt(version) : 0;
-            int row = full == 0 ? version : heap.at(full, ITEM);
-            boolean isOfRow = values.depthOf(row) > 0;
-            int count = countOf(filling);
-            for (int i = 0; i < MOST_LOOKED && filled.used < count; i++) {
-                int value = isOfRow ? values.look(row, filled.used) : valueOf(filling, filled.used);
-                if (values.wanted != 0) {
-                    return;
-                }
-                filled.add(value);
-            }
-            if (filled.used < count) {
-                return;
-            }
-            int plain = values.plain(filled, 0, count);
-            boolean isDone = !isOfRow || full == 0;
-            if (isOfRow) {
-                values.makePlain(row, plain, count);
-            } else if (full != 0) {
-                hold(filling, plain);
-                heap.setNote(filling, 0);
-            }
-            filling = isDone ? 0 : filling;
-            filled.used = 0;
         }
     }
 
@@ -4019,18 +3796,48 @@ public final class WindwardScheme {
      * The body of a procedure, or the program, that is evaluated at hand: the forms in it that wait for a part, and the
      * values of the parts of calls up to now. What is the last thing in the body waits for nothing.
      *
-     * <p>When an episode is wanted, it is evaluated again on top of what is at hand, and others that it needs on top of it.
+     * <p>When a part of an episode is wanted, its form is looked at again. A variable leads to another part of an earlier
+     * episode, and so on, in one task; only for a test there is a task within another one. So it takes little room.
      */
     private static final class Body {
         // What is next: to evaluate the form, to take the value, to apply a procedure; anything above is an error's letter.
         static final int EVALUATE = 0;
         static final int TAKE = 1;
         static final int APPLY = 2;
-        private static final int MAX_LEVELS = 65536;
-        private static final int TASK = 10 + Variables.SEARCH;
-        private static final int MOST_TASKS = 600;
-        private static final int CELLS_KEPT = 3;
-        private static final int MOST_STEPS_AGAIN = 100000000;
+        // What a task knows: the part of an episode that is looked at, how far it is; the variable that is looked for, the version at hand and its group; the episode whose settings are looked through, up to a place, the
+        // form at hand in it, how many tests were ahead, what was found; what the task is for; where its levels and marks
+        // begin; how many parts led to this one; what a test came to.
+        private static final int EPISODE = 0;
+        private static final int PLACE = 1;
+        private static final int STAGE = 2;
+        private static final int TARGET = 3;
+        private static final int TARGET_PLACE = 4;
+        private static final int VERSION = 5;
+        private static final int MEMBER = 6;
+        private static final int SCANNED = 7;
+        private static final int SCAN_LIMIT = 8;
+        private static final int SCAN_FORM = 9;
+        private static final int SCAN_PLACE = 10;
+        private static final int TESTS_SEEN = 11;
+        private static final int LAST = 12;
+        private static final int KEY = 13;
+        private static final int KEY_PLACE = 14;
+        private static final int BOTTOM = 15;
+        private static final int FIRST_MARK = 16;
+        private static final int LINKS = 17;
+        private static final int RESULT = 18;
+        private static final int TASK = 19;
+        // Its stages.
+        private static final int PART = 0;
+        private static final int CHOICE = 1;
+        private static final int SEARCH = 2;
+        private static final int SCAN = 3;
+        private static final int SCAN_CHOICE = 4;
+        private static final int SAVED = 4;
+        private static final int MOST_TASKS = 1000;
+        private static final int MAX_MARKS = 65536;
+        private static final int LEAST_PARTS = 64; // that lead from one to the next, until arguments are held
+        private static final int MAX_PENDING = 65536;
 
         private final Heap heap;
         private final Store store;
@@ -4043,29 +3850,31 @@ public final class WindwardScheme {
         private final Row cursors;
         private final Row heights;
         private int level;
-        private int bottom; // the lowest level of what is at hand
         private final Row stack; // used as far as there are values
-        private int ground; // where the values at hand begin
         int below; // how many values wait below them
         int start; // at what height the procedure to be applied is, with its arguments above
         int mode;
         int value;
         int environment;
         private int form;
-        private final Row tasks; // what waits for an episode that is evaluated again
-        private final Row saved;
+        private final Row tasks; // behind what the heap must see of the body
+        private final Row levels; // of tasks: slot and cursor of each form that waits
+        private final Row marks; // parts on the way to one, which come to the same
+        private final Row pending; // what is still to be looked for behind what the tasks are for
 
         Body(Heap heap, Store store, Values values, Variables variables) {
             this.heap = heap;
             this.store = store;
             this.values = values;
             this.variables = variables;
-            nodes = new Row(MAX_LEVEL, MAX_LEVELS);
-            cursors = new Row(MAX_LEVEL, MAX_LEVELS);
-            heights = new Row(MAX_LEVEL, MAX_LEVELS);
+            nodes = new Row(MAX_LEVEL, 2 * MAX_LEVEL);
+            cursors = new Row(MAX_LEVEL, 2 * MAX_LEVEL);
+            heights = new Row(MAX_LEVEL, 2 * MAX_LEVEL);
             stack = values.stack;
-            tasks = new Row(0, MAX_LEVELS);
-            saved = heap.newRoots(3, 3);
+            tasks = heap.newRoots(SAVED, SAVED + TASK * (MOST_TASKS + 2));
+            levels = new Row(0, 2 * MAX_LEVEL * (MOST_TASKS + 2));
+            marks = heap.newRoots(0, MAX_MARKS);
+            pending = heap.newRoots(0, MAX_PENDING);
             reset();
         }
 
@@ -4098,15 +3907,14 @@ public final class WindwardScheme {
         }
 
         boolean isDone() {
-            return level < bottom;
+            return level < 0;
         }
 
         /** Lets the heap see what is in use. */
         void save() {
-            saved.put(0, value);
-            saved.put(1, environment);
-            saved.put(2, values.wanted);
-            heap.young = values.oldestStamp();
+            tasks.put(0, value);
+            tasks.put(1, environment);
+            tasks.put(2, Math.max(0, values.wanted));
         }
 
         /** Lets a value be what the form at hand came to. */
@@ -4119,7 +3927,7 @@ public final class WindwardScheme {
         void giveForCall(int answer) {
             cutTo(start);
             give(answer);
-            if (level >= bottom) {
+            if (level >= 0) {
                 values.beginEpisode(start, pathHere(), answer);
             }
         }
@@ -4144,7 +3952,7 @@ public final class WindwardScheme {
 
         /** Whether the image of the program is there, if it is looked at next; otherwise it is wanted. */
         boolean hasImage() {
-            boolean isLookedAt = mode == EVALUATE ? (form & TAG_MASK) <= OTHER : mode == TAKE && level >= bottom;
+            boolean isLookedAt = mode == EVALUATE ? (form & TAG_MASK) <= OTHER : mode == TAKE && level >= 0;
             boolean isThere = !isLookedAt || store.isLoaded(program);
             values.wanted = isThere ? values.wanted : -program;
             return isThere;
@@ -4153,8 +3961,7 @@ public final class WindwardScheme {
         /** Evaluates the form at hand; if something is wanted for it, nothing is done. */
         void evaluate() {
             int content = form >>> SLOT_SHIFT;
-            int around = 0;
-            int place = content;
+            int found;
             switch (form & TAG_MASK) {
                 case CALL:
                 case BRANCH:
@@ -4169,20 +3976,20 @@ public final class WindwardScheme {
                     }
                     return;
                 case LOCAL:
-                    around = variables.around(environment, form);
-                    place = Variables.placeOf(form);
+                    int around = variables.around(environment, form);
+                    int place = Variables.placeOf(form);
+                    found = variables.justSet(around, place);
+                    found = found == Values.NONE ? variables.valueOf(around, place) : found;
                     break;
                 case GLOBAL:
+                    found = store.globalValue(content);
                     break;
                 case OTHER:
                     evaluateOther(content);
                     return;
                 default:
-                    give(content);
-                    return;
+                    found = content;
             }
-            int found = variables.justSet(around, place);
-            found = found == Values.NONE ? variables.valueOf(around, place) : found;
             if (found != 0) {
                 give(found);
             } else if (values.wanted == 0) {
@@ -4194,13 +4001,13 @@ public final class WindwardScheme {
             int info = store.word(program, node + 1);
             switch (store.word(program, node)) {
                 case LAMBDA:
-                    give(heap.make(CLOSURE, info, program << OFFSET_BITS | node, environment, values.nextStamp()));
+                    give(heap.make(CLOSURE, info, program << OFFSET_BITS | node, environment, values.lastStamp()));
                     break;
                 case QUOTE:
                     give(heap.make(QUOTED, 0, program << OFFSET_BITS | info, 0, 0));
                     break;
                 case SYNTAX:
-                    variables.define(info, MACRO, store.newRules());
+                    store.define(info, MACRO, store.newRules());
                     variables.set(0, info, 0);
                     give(NOTHING_CELL);
                     break;
@@ -4210,18 +4017,28 @@ public final class WindwardScheme {
         }
 
         private int height() {
-            return below + stack.used - ground;
+            return below + stack.used;
         }
 
         /** Lets nothing be above a height. */
         private void cutTo(int height) {
-            stack.used = Math.max(ground, ground + height - below);
+            stack.used = Math.max(0, height - below);
             below = Math.min(below, height);
         }
 
-        /** The value at a height; 0 if an episode is wanted for it first. */
+        /** The value at a height; 0 if it is wanted first. */
         int valueAt(int height) {
-            return height >= below ? stack.get(ground + height - below) : values.look(values.base(), height);
+            return height >= below ? stack.get(height - below) : values.look(values.base(), height, placeAt(height));
+        }
+
+        /** Where the part of a call is in the code whose value is at a height. */
+        private int placeAt(int height) {
+            for (int i = Math.min(level + 1, MAX_LEVEL); i >= 0; i--) {
+                if ((nodes.get(i) & TAG_MASK) == CALL && heights.get(i) <= height) {
+                    return (nodes.get(i) >>> SLOT_SHIFT) + height - heights.get(i);
+                }
+            }
+            return 0;
         }
 
         /** Lets a form wait for its first part. */
@@ -4233,7 +4050,7 @@ public final class WindwardScheme {
             form = part;
         }
 
-        /** Takes the value for the form that waits for it; if something is wanted for it, nothing is done. */
+        /** Takes the value for the form that waits for it. */
         void take() {
             int place = cursors.get(level);
             switch (nodes.get(level) & TAG_MASK) {
@@ -4247,6 +4064,7 @@ public final class WindwardScheme {
                     break;
                 case BRANCH:
                     level--;
+                    values.noteTest(value != FALSE_CELL);
                     form = store.word(program, value == FALSE_CELL ? place + 2 : place + 1);
                     mode = form == 0 ? TAKE : EVALUATE;
                     value = form == 0 ? NOTHING_CELL : value;
@@ -4256,15 +4074,7 @@ public final class WindwardScheme {
                     level -= isNextBegun(place + 1) && store.word(program, place + 2) != 0 ? 0 : 1;
                     break;
                 default:
-                    int kind = store.word(program, place);
-                    int target = store.word(program, place + 1);
-                    int before = kind == SET_GLOBAL ? variables.justSet(0, target) : 1;
-                    before = before == Values.NONE ? variables.valueOf(0, target) : before;
-                    if (before != 0) {
-                        assign(kind, target);
-                    } else if (values.wanted == 0) {
-                        mode = 'u';
-                    }
+                    assign(store.word(program, place), store.word(program, place + 1));
             }
         }
 
@@ -4280,10 +4090,14 @@ public final class WindwardScheme {
         }
 
         private void assign(int kind, int target) {
+            if (kind == SET_GLOBAL && store.globalValue(target) == 0) {
+                mode = 'u';
+                return;
+            }
             if (kind == SET_LOCAL) {
                 variables.set(variables.around(environment, target), Variables.placeOf(target), value);
             } else {
-                variables.define(target, VARIABLE, value);
+                store.define(target, VARIABLE, value);
                 variables.set(0, target, value);
             }
             level--;
@@ -4294,15 +4108,62 @@ public final class WindwardScheme {
 
         /** Whether the body waits for what is applied. */
         boolean waits() {
-            return level >= bottom;
+            return level >= 0;
+        }
+
+        /** Where the parts of the call are in the code that is to be applied. */
+        int placeOfCall() {
+            return nodes.get(level + 1) >>> SLOT_SHIFT;
+        }
+
+        /**
+         * The row of the arguments of the call that is to be applied, or just the episode in which they came about; those for
+         * the rest are behind the others.
+         */
+        int rowOfArguments(int parameters, int count, boolean hasRest) {
+            int first = start + 1 - below;
+            int extra = count - parameters;
+            values.built = 0;
+            if (parameters == 0 && !hasRest) {
+                return 0;
+            }
+            // What is not applied by code has few arguments, and no episode in which they came about.
+            boolean isPlain = values.countOfEpisodes() == 0 || first >= 0 && (values.areFew(first, count) || isHeld(count));
+            if (isPlain && hasRest && extra <= 1) {
+                int rest = extra == 0 ? EMPTY_CELL : values.pairOf(stack.get(first + parameters), EMPTY_CELL);
+                stack.put(first + parameters, rest);
+                return values.plain(stack, first, parameters + 1);
+            }
+            int row;
+            if (isPlain) {
+                row = values.plain(stack, first, count);
+            } else if (values.beginOfLast() <= start + 1) {
+                row = values.lastEpisode(environment);
+            } else {
+                values.built = values.rowUpTo(start + 1 + count, below, environment);
+                row = values.built;
+            }
+            if (!hasRest && (isPlain || values.isEpisode(row))) {
+                return row;
+            }
+            int note = count << COUNT_BITS + 1 | (hasRest ? HAS_REST : 0) | parameters;
+            return heap.make(ARGUMENTS, note, row, isPlain ? 0 : placeOfCall(), start);
+        }
+
+        /** Whether so many arguments are held as they are: some are, now and then, so that no value is found by too many parts. */
+        private boolean isHeld(int count) {
+            return (values.lastStamp() * 0x9E3779B1 >>> 1) % (LEAST_PARTS + count / 2) == 0;
         }
 
         /** Leaves the body for an application: the frames ahead of which is what is still to be done in it. */
         int leave(int frames) {
-            if (level < bottom) {
+            if (level < 0) {
                 return frames;
             }
-            int row = values.rowOf(below, 0, start, environment, 1 + variables.depthAround(environment));
+            int row = values.built;
+            if (row == 0 && start > 0) {
+                row = values.rowUpTo(start, below, environment);
+            }
             cutTo(start);
             int frame = heap.make(BODY_FRAME, pathHere(), row, frames, environment);
             reset();
@@ -4334,7 +4195,6 @@ public final class WindwardScheme {
         private void goTo(int path) {
             program = heap.noteOf(path);
             below = heap.at(path, EXTRA);
-            level = bottom - 1;
             int slot = heap.at(path, ITEM);
             int index = heap.at(path, NEXT);
             int height = below;
@@ -4350,10 +4210,10 @@ public final class WindwardScheme {
                 slot = store.word(program, place - 2);
                 index = store.word(program, place - 1);
             }
-            for (int i = 0; 2 * i < level - bottom; i++) {
-                swap(nodes, bottom + i, level - i);
-                swap(cursors, bottom + i, level - i);
-                swap(heights, bottom + i, level - i);
+            for (int i = 0; 2 * i < level; i++) {
+                swap(nodes, i, level - i);
+                swap(cursors, i, level - i);
+                swap(heights, i, level - i);
             }
             mode = TAKE;
         }
@@ -4370,126 +4230,415 @@ public final class WindwardScheme {
                 case BRANCH:
                     return index == 0;
                 case SEQUENCE:
-                    return store.word(program, place + index + 1) != 0;
+                    return store.word(this.program, place + index + 1) != 0;
                 default:
                     return true;
             }
         }
 
-        // ---- episodes that are evaluated again
+        // ---- parts of episodes that are looked at again
 
-        boolean isRecalling() {
-            return tasks.used > 0;
+        boolean isFinding() {
+            return tasks.used > SAVED;
+        }
+
+        private int at(int which) {
+            return tasks.get(tasks.used - TASK + which);
+        }
+
+        private void note(int which, int number) {
+            tasks.put(tasks.used - TASK + which, number);
         }
 
         /**
-         * Evaluates the episode that is wanted again, and those that are wanted for it; it may be that a program is wanted, and
-         * it is gone on with behind that. Whether there was room for it.
+         * Looks for what is wanted; it may be that a program is wanted for it, and it is gone on with behind that. Whether
+         * there was room for it.
          */
-        boolean recall(int reserve) {
+        boolean find(int reserve) {
             boolean isRight = true;
-            for (int i = 0; i < MOST_STEPS_AGAIN && isRight && values.wanted >= 0 && (values.wanted != 0 || tasks.used > 0); i++) {
-                isRight = stack.used < MOST_STACKED && tasks.used < TASK * MOST_TASKS;
+            if (values.wanted > 0) {
+                beginTask(values.wanted, values.wantedPlace);
+                values.wanted = 0;
+            }
+            for (int i = 0; i < MAX_STEPS && isRight && tasks.used > SAVED && values.wanted == 0; i++) {
                 if (heap.freeCells < STEP) {
                     save();
-                    isRight = heap.makeRoom(STEP, reserve) && isRight;
+                    isRight = heap.makeRoom(STEP, reserve);
                 }
-                if (!isRight) {
-                    break;
-                }
-                if (values.isRow(values.wanted)) {
-                    isRight = values.unpack(values.wanted);
-                    values.wanted = 0;
-                } else if (values.wanted != 0) {
-                    if (heap.kindOf(values.wanted) == BEGUN || canGoTo(heap.noteOf(values.wanted))) {
-                        beginAgain(values.wanted);
+                int found = 0;
+                if (isRight) {
+                    switch (at(STAGE)) {
+                        case PART:
+                            found = lookAtPart();
+                            break;
+                        case SEARCH:
+                            found = searchOn();
+                            break;
+                        case SCAN:
+                            found = scanOn();
+                            break;
+                        default:
+                            found = choose();
                     }
-                } else if (mode > APPLY || mode == APPLY || mode == TAKE && level < bottom) {
-                    isRight = variables.remember(stack.get(ground - 1), ground);
-                    dropTask();
-                } else if (!hasImage()) {
-                    break;
-                } else if (mode == EVALUATE) {
-                    evaluate();
-                } else {
-                    take();
+                }
+                if (found != 0) {
+                    endTask(found);
                 }
             }
             save();
-            boolean isDone = values.wanted < 0 || values.wanted == 0 && tasks.used == 0;
-            if (!isRight || !isDone) {
+            if (!isRight) {
                 dropTasks();
             }
-            return isRight && isDone;
-        }
-
-        private void beginAgain(int episode) {
-            values.wanted = 0;
-            tasks.add(level);
-            tasks.add(bottom);
-            tasks.add(ground);
-            tasks.add(below);
-            tasks.add(start);
-            tasks.add(mode);
-            tasks.add(values.stamps);
-            tasks.add(variables.time);
-            tasks.add(variables.first);
-            tasks.add(program);
-            for (int i = 0; i < Variables.SEARCH; i++) {
-                tasks.add(variables.search.get(i));
-                variables.search.put(i, 0);
-            }
-            stack.add(value);
-            stack.add(environment);
-            stack.add(episode);
-            level++;
-            nodes.put(level, form);
-            bottom = level + 1;
-            ground = stack.used;
-            below = 0;
-            values.stamps = heap.at(episode, STAMP);
-            variables.time = values.stamps;
-            variables.first = variables.countOfSettings();
-            environment = heap.at(episode, AROUND);
-            if (heap.kindOf(episode) == BEGUN) {
-                form = heap.at(episode, ITEM);
-                program = heap.noteOf(episode);
-                mode = EVALUATE;
-            } else {
-                value = heap.at(episode, ITEM);
-                goTo(heap.noteOf(episode));
-            }
-        }
-
-        /** Goes back to what waited for an episode. */
-        private void dropTask() {
-            variables.forgetSettings();
-            value = stack.get(ground - CELLS_KEPT);
-            environment = stack.get(ground - CELLS_KEPT + 1);
-            form = nodes.get(bottom - 1);
-            stack.used = ground - CELLS_KEPT;
-            int task = tasks.used - TASK;
-            level = tasks.get(task);
-            bottom = tasks.get(task + 1);
-            ground = tasks.get(task + 2);
-            below = tasks.get(task + 3);
-            start = tasks.get(task + 4);
-            mode = tasks.get(task + 5);
-            values.stamps = tasks.get(task + 6);
-            variables.time = tasks.get(task + 7);
-            variables.first = tasks.get(task + 8);
-            for (int i = 0; i < Variables.SEARCH; i++) {
-                variables.search.put(i, tasks.get(task + 10 + i));
-            }
-            program = tasks.get(task + 9);
-            tasks.used = task;
+            return isRight;
         }
 
         void dropTasks() {
-            for (int i = 0; i < MAX_LEVELS && tasks.used >= TASK; i++) {
-                dropTask();
-            }
+            tasks.used = SAVED;
+            levels.used = 0;
+            marks.used = 0;
+            pending.used = 0;
             values.wanted = 0;
+        }
+
+        /** Begins to look for a part of an episode, or for a variable of an environment. */
+        private void beginTask(int key, int place) {
+            if (tasks.used >= SAVED + TASK * MOST_TASKS) {
+                // This one is looked for first, by itself; then that for which it was wanted, from the beginning.
+                pending.add(tasks.get(SAVED + KEY));
+                pending.add(tasks.get(SAVED + KEY_PLACE));
+                tasks.used = SAVED;
+                levels.used = 0;
+                marks.used = 0;
+            }
+            for (int i = 0; i < TASK; i++) {
+                tasks.put(tasks.used + i, 0);
+            }
+            tasks.used += TASK;
+            note(KEY, key);
+            note(KEY_PLACE, place);
+            note(BOTTOM, levels.used);
+            note(FIRST_MARK, marks.used);
+            if (place < 0) {
+                note(VERSION, variables.newestOf(key));
+                note(TARGET, key);
+                note(TARGET_PLACE, ~place);
+                note(STAGE, SEARCH);
+            } else {
+                note(EPISODE, key);
+                note(PLACE, place);
+            }
+        }
+
+        private void endTask(int found) {
+            int key = at(KEY);
+            int place = at(KEY_PLACE);
+            int first = at(FIRST_MARK);
+            for (int i = first; i + 1 < marks.used; i += 2) {
+                heap.know(marks.get(i), marks.get(i + 1), found);
+            }
+            marks.used = first;
+            levels.used = at(BOTTOM);
+            tasks.used -= TASK;
+            if (tasks.used > SAVED) {
+                note(RESULT, found);
+            }
+            heap.know(key, place, found);
+            if (tasks.used == SAVED && pending.used >= 2) {
+                pending.used -= 2;
+                beginTask(pending.get(pending.used), pending.get(pending.used + 1));
+            }
+        }
+
+        /** Lets the task look at another part, which comes to the same. */
+        private void follow(int episode, int place) {
+            note(EPISODE, episode);
+            note(PLACE, place);
+            note(STAGE, PART);
+            int links = at(LINKS) + 1;
+            note(LINKS, links);
+            if ((links & links - 1) == 0) {
+                marks.add(episode);
+                marks.add(place);
+            }
+        }
+
+        /** What the part at hand came to; 0 if it is not known yet. */
+        private int lookAtPart() {
+            int episode = at(EPISODE);
+            int place = at(PLACE);
+            int found = values.simplePart(episode, place);
+            if (found != 0 || values.wanted != 0) {
+                return found;
+            }
+            int slot = store.word(values.programOf(episode), place);
+            int content = slot >>> SLOT_SHIFT;
+            switch (slot & TAG_MASK) {
+                case LOCAL:
+                    beginSearch(variables.around(heap.at(episode, AROUND), slot), Variables.placeOf(slot));
+                    break;
+                case GLOBAL:
+                    beginSearch(0, content);
+                    break;
+                case SEQUENCE:
+                    int last = content;
+                    for (int i = 0; i < MAX_ROW && store.word(values.programOf(episode), last + 1) != 0; i++) {
+                        last++;
+                    }
+                    note(PLACE, last);
+                    break;
+                case BRANCH:
+                    int chosen = values.indexWithin(episode, content);
+                    if (chosen > 0) {
+                        note(PLACE, content + chosen);
+                    } else if (values.testOf(episode, 0) >= 0) {
+                        beginScan(episode, -content);
+                    } else {
+                        beginTest(CHOICE, episode, content);
+                    }
+                    break;
+                default:
+                    return NOTHING_CELL;
+            }
+            return 0;
+        }
+
+        /** Goes on to the stage behind a test, which is looked at by a task of its own if it is not known. */
+        private void beginTest(int stage, int episode, int place) {
+            int found = values.simplePart(episode, place);
+            if (values.wanted != 0) {
+                return;
+            }
+            note(STAGE, stage);
+            note(RESULT, found);
+            if (found == 0) {
+                beginTask(episode, place);
+            }
+        }
+
+        /** Goes on behind a test, by what it came to. */
+        private int choose() {
+            boolean isScan = at(STAGE) == SCAN_CHOICE;
+            int looked = at(isScan ? SCANNED : EPISODE);
+            int looking = values.programOf(looked);
+            if (!store.isLoaded(looking)) {
+                values.wanted = -looking;
+                return 0;
+            }
+            int slot = isScan ? levels.get(levels.used - 2) : store.word(looking, at(PLACE));
+            int place = (slot >>> SLOT_SHIFT) + (at(RESULT) == FALSE_CELL ? 2 : 1);
+            int chosen = store.word(looking, place);
+            note(TESTS_SEEN, at(TESTS_SEEN) + 1);
+            if (isScan) {
+                levels.used -= 2;
+                note(SCAN_FORM, chosen);
+                note(SCAN_PLACE, place);
+                note(STAGE, SCAN);
+                return 0;
+            }
+            note(PLACE, place);
+            note(STAGE, PART);
+            return chosen == 0 ? NOTHING_CELL : 0;
+        }
+
+        /** Begins to look for a variable, as it was in the episode at hand. */
+        private void beginSearch(int target, int place) {
+            int memo = variables.seek(target, heap.at(at(EPISODE), STAMP) + 1);
+            note(TARGET, target);
+            note(TARGET_PLACE, place);
+            note(VERSION, variables.sought(memo, Variables.VERSION_FOUND));
+            note(MEMBER, variables.sought(memo, Variables.MEMBER_FOUND));
+            note(SCANNED, 0);
+            note(STAGE, SEARCH);
+        }
+
+        /** What the variable was that is looked for; 0 if it is not known yet. */
+        private int searchOn() {
+            int episode = at(EPISODE);
+            int target = at(TARGET);
+            int place = at(TARGET_PLACE);
+            for (int i = 0; i < MAX_STEPS && variables.isInChain(at(VERSION)); i++) {
+                int version = at(VERSION);
+                int cellKind = heap.kindOf(version);
+                boolean isOwn = episode != 0 && cellKind != GROUPED && heap.at(version, STAMP) == heap.at(episode, STAMP);
+                boolean isSeen = (!isOwn || at(SCANNED) != episode) && variables.mayBeSet(version, target, place);
+                if (isSeen && !isOwn && (cellKind == SETTING || cellKind == ALL_SET)) {
+                    int row = heap.at(version, ITEM);
+                    int then = cellKind == SETTING ? row : values.plainAt(row, place);
+                    return then == 0 ? NOTHING_CELL : then;
+                }
+                if (isSeen) {
+                    beginScan(isOwn ? episode : heap.at(version, ITEM), isOwn ? at(PLACE) : 0);
+                    return 0;
+                }
+                goBack();
+            }
+            int found = at(VERSION) == 0 ? NOTHING_CELL : values.variable(target, at(VERSION), place, false);
+            if (values.wanted > 0) {
+                follow(values.wanted, values.wantedPlace);
+                values.wanted = 0;
+            }
+            return found;
+        }
+
+        /** Goes back to the version before. */
+        private void goBack() {
+            int version = at(VERSION);
+            if (heap.kindOf(version) == GROUPED) {
+                note(MEMBER, version);
+            }
+            note(VERSION, variables.before(version, at(MEMBER)));
+        }
+
+        /** Begins to look through an episode, up to a place or its end, for what it set the variable to at last. */
+        private void beginScan(int episode, int limit) {
+            note(SCANNED, episode);
+            note(SCAN_LIMIT, limit);
+            note(SCAN_FORM, heap.kindOf(episode) == BEGUN ? heap.at(episode, ITEM) : 0);
+            note(SCAN_PLACE, 0);
+            note(LAST, 0);
+            note(TESTS_SEEN, 0);
+            note(STAGE, SCAN);
+            levels.used = at(BOTTOM);
+            int looking = values.programOf(episode);
+            int path = heap.kindOf(episode) == RESUMED ? heap.noteOf(episode) : 0;
+            if (!store.isLoaded(looking)) {
+                values.wanted = -looking;
+                note(SCANNED, 0);
+                note(STAGE, SEARCH);
+                return;
+            }
+            int slot = heap.at(path, ITEM);
+            int index = heap.at(path, NEXT);
+            for (int i = 0; i < MAX_LEVEL && slot != 0; i++) {
+                int place = slot >>> SLOT_SHIFT;
+                int tag = slot & TAG_MASK;
+                boolean isLast = tag == SEQUENCE && store.word(looking, place + index + 1) == 0;
+                if (!isLast && (tag != BRANCH || index == 0)) {
+                    levels.add(slot);
+                    levels.add(place + index);
+                }
+                slot = store.word(looking, place - 2);
+                index = store.word(looking, place - 1);
+            }
+            int first = at(BOTTOM);
+            for (int i = 0; 4 * i < levels.used - first - 2; i++) {
+                swap(levels, first + 2 * i, levels.used - 2 - 2 * i);
+                swap(levels, first + 2 * i + 1, levels.used - 1 - 2 * i);
+            }
+        }
+
+        /** Goes on with looking through an episode, up to a test that is not known, or the end. */
+        private int scanOn() {
+            int looked = at(SCANNED);
+            int looking = values.programOf(looked);
+            if (!store.isLoaded(looking)) {
+                values.wanted = -looking;
+                return 0;
+            }
+            boolean isOn = true;
+            for (int i = 0; i < MAX_STEPS && isOn; i++) {
+                int slot = at(SCAN_FORM);
+                if (slot != 0) {
+                    isOn = !isWithin(looking, slot, at(SCAN_PLACE), at(SCAN_LIMIT));
+                    note(SCAN_FORM, 0);
+                    if (isOn && (slot & ACTIVE) != 0) {
+                        scanInto(looking, slot);
+                    }
+                } else if (levels.used <= at(BOTTOM)) {
+                    isOn = false;
+                } else if ((levels.get(levels.used - 2) & TAG_MASK) == BRANCH) {
+                    int test = levels.get(levels.used - 2) >>> SLOT_SHIFT;
+                    int holds = values.testOf(looked, at(TESTS_SEEN));
+                    if (holds < 0) {
+                        beginTest(SCAN_CHOICE, looked, test);
+                        return 0;
+                    }
+                    note(TESTS_SEEN, at(TESTS_SEEN) + 1);
+                    int chosen = test + 2 - holds;
+                    if (at(SCAN_LIMIT) == -test) {
+                        levels.used = at(BOTTOM);
+                        note(PLACE, chosen);
+                        note(STAGE, PART);
+                        return store.word(looking, chosen) == 0 ? NOTHING_CELL : 0;
+                    }
+                    levels.used -= 2;
+                    note(SCAN_FORM, store.word(looking, chosen));
+                    note(SCAN_PLACE, chosen);
+                } else {
+                    isOn = scanBehind(looked, looking);
+                }
+            }
+            levels.used = at(BOTTOM);
+            note(STAGE, SEARCH);
+            if (at(LAST) != 0) {
+                follow(looked, at(LAST));
+            } else if (looked != at(EPISODE)) {
+                goBack();
+            }
+            return 0;
+        }
+
+        /**
+         * Whether a place is that of a form, or in it, if there is neither a call nor a setting in the form. What is in a form
+         * is ahead of its parts in the image, and behind what is in the forms ahead of it, which have been looked through.
+         */
+        private boolean isWithin(int looking, int slot, int formPlace, int place) {
+            int content = slot >>> SLOT_SHIFT;
+            int tag = slot & TAG_MASK;
+            if (place == 0 || formPlace == place || (slot & ACTIVE) != 0 || tag != BRANCH && tag != SEQUENCE) {
+                return place != 0 && formPlace == place;
+            }
+            int part = content;
+            for (int i = 0; i < MAX_ROW && part < place && store.word(looking, part) != 0; i++) {
+                part++;
+            }
+            return place <= part;
+        }
+
+        private boolean isPassed(int looking, int slot, int formPlace, int limit) {
+            return (slot & ACTIVE) == 0 && !isWithin(looking, slot, formPlace, limit);
+        }
+
+        private void scanInto(int looking, int slot) {
+            boolean isSetting = (slot & TAG_MASK) == OTHER;
+            int part = (slot >>> SLOT_SHIFT) + (isSetting ? 2 : 0);
+            boolean isOne = (slot & TAG_MASK) == SEQUENCE && store.word(looking, part + 1) == 0;
+            if (!isOne) {
+                levels.add(slot);
+                levels.add(isSetting ? part - 2 : part);
+            }
+            note(SCAN_FORM, store.word(looking, part));
+            note(SCAN_PLACE, part);
+        }
+
+        /** Goes on behind a part of a call, a sequence or a setting; whether that was not the last one of the episode. */
+        private boolean scanBehind(int looked, int looking) {
+            int slot = levels.get(levels.used - 2);
+            int place = levels.get(levels.used - 1) + 1;
+            if ((slot & TAG_MASK) == OTHER) {
+                int kind = store.word(looking, place - 1);
+                int set = store.word(looking, place);
+                boolean isLocal = kind == SET_LOCAL;
+                int target = isLocal ? variables.around(heap.at(looked, AROUND), set) : 0;
+                boolean isIt = target == at(TARGET) && (isLocal ? Variables.placeOf(set) : set) == at(TARGET_PLACE);
+                note(LAST, isIt ? place + 1 : at(LAST));
+                levels.used -= 2;
+                return true;
+            }
+            boolean isCall = (slot & TAG_MASK) == CALL;
+            int next = store.word(looking, place);
+            int limit = at(SCAN_LIMIT);
+            for (int i = 0; i < MAX_ROW && isCall && next != 0 && isPassed(looking, next, place, limit); i++) {
+                place++;
+                next = store.word(looking, place);
+            }
+            levels.put(levels.used - 1, place);
+            if (!isCall && store.word(looking, place + 1) == 0) {
+                levels.used -= 2;
+            }
+            note(SCAN_FORM, next);
+            note(SCAN_PLACE, place);
+            return next != 0;
         }
     }
 
@@ -4520,7 +4669,6 @@ public final class WindwardScheme {
         private static final int ENTERING = 1;
         private static final int CELLS_OF_EPISODE = 6;
         private static final int CELLS_OF_SETTING = 4;
-        private static final int MOST_RECALLS = 20000;
 
         private final Heap heap;
         private final Values values;
@@ -4539,7 +4687,6 @@ public final class WindwardScheme {
         private int topHandler;
         private int fuel;
         private int found; // of the procedure and the arguments, for what is applied next
-        private int recalls; // that were needed for what is done next
 
         Machine(Heap heap, Values values, Variables variables, Body body) {
             this.heap = heap;
@@ -4594,7 +4741,7 @@ public final class WindwardScheme {
         /** Gives up what there was of an earlier run. */
         void stop() {
             tallies[ABANDONED] += countOfWinds();
-            variables.commit(body.environment, values.beginOfLast() - body.below, true, false);
+            variables.commit(body.environment, true, false);
             giveUp();
             save();
         }
@@ -4619,15 +4766,14 @@ public final class WindwardScheme {
         /** Goes on with the run; the number of a program that must be expanded for it first, or 0 at the end. */
         int goOn() {
             for (int i = 0; i < MAX_STEPS && status == 'r' && (body.mode != Body.APPLY || fuel > 0); i++) {
-                recalls = values.wanted == 0 ? 0 : recalls + 1;
                 boolean hasRoom = hasRoom();
-                if (hasRoom && (values.wanted < 0 || values.wanted == 0 && !body.hasImage())) {
+                if (hasRoom && (values.wanted < 0 || values.wanted == 0 && !body.isFinding() && !body.hasImage())) {
                     save();
                     return -values.wanted;
                 }
-                if (hasRoom && (values.wanted != 0 || body.isRecalling())) {
+                if (hasRoom && (values.wanted != 0 || body.isFinding())) {
                     save();
-                    hasRoom = recalls < MOST_RECALLS && body.recall(RESERVE);
+                    hasRoom = body.find(RESERVE);
                 } else if (hasRoom && variables.filling != 0) {
                     variables.goOnFilling();
                 } else if (hasRoom && body.mode == Body.EVALUATE) {
@@ -4635,14 +4781,14 @@ public final class WindwardScheme {
                 } else if (hasRoom && body.mode == Body.TAKE && !body.isDone()) {
                     body.take();
                 } else if (hasRoom && body.mode == Body.TAKE && canGoOn()) {
-                    variables.commit(body.environment, values.beginOfLast() - body.below, true, true);
+                    variables.commit(body.environment, true, true);
                     if (frames == 0) {
                         finish();
                     } else {
                         giveToFrame(frames);
                     }
-                } else if (hasRoom && body.mode == Body.APPLY && isReady() && (!isLeft() || variables.areShallow(body.environment))) {
-                    variables.commit(body.environment, values.beginOfLast() - body.below, true, false);
+                } else if (hasRoom && body.mode == Body.APPLY && isReady()) {
+                    variables.commit(body.environment, true, false);
                     fuel--;
                     tallies[APPLICATIONS]++;
                     tallies[APPLICATIONS_OF_RUN]++;
@@ -4665,7 +4811,7 @@ public final class WindwardScheme {
                     }
                 }
                 if (!hasRoom || body.mode > Body.APPLY) {
-                    variables.commit(body.environment, values.beginOfLast() - body.below, hasRoom, false);
+                    variables.commit(body.environment, false, false);
                     fail(hasRoom ? (char) body.mode : 'o');
                 }
             }
@@ -4678,7 +4824,7 @@ public final class WindwardScheme {
             values.wanted = 0;
             if (!isThere) {
                 body.dropTasks();
-                variables.commit(body.environment, values.beginOfLast() - body.below, false, false);
+                variables.commit(body.environment, false, false);
                 fail('o');
             }
         }
@@ -4838,13 +4984,6 @@ public final class WindwardScheme {
             return values.wanted == 0;
         }
 
-        /** Whether the body is left for the application. */
-        private boolean isLeft() {
-            int procedure = arguments.get(PROCEDURE);
-            int symbol = heap.at(procedure, AMOUNT);
-            return heap.kindOf(procedure) != PRIMITIVE || symbol >= FIRST_CONTROL && symbol != NOT_SYMBOL;
-        }
-
         private static int argumentsOf(int symbol) {
             int place = symbol - FIRST_PRIMITIVE;
             return place >= 0 && place < ARGUMENTS.length ? ARGUMENTS[place] : 0;
@@ -4860,29 +4999,15 @@ public final class WindwardScheme {
                 body.mode = 'a';
                 return;
             }
-            int depth = 1 + variables.depthAround(body.environment);
-            int from = body.start + 1;
-            int to = from + parameters;
             int row = list == 0
-                    ? values.rowOf(body.below, from, to, body.environment, depth)
-                    : values.rowOfList(list, parameters);
-            if (hasRest) {
-                int extra = count - parameters;
-                int rest = EMPTY_CELL;
-                if (list != 0) {
-                    rest = values.copyOf(values.tailOf(list, parameters));
-                } else if (extra > 0) {
-                    int more = values.rowOf(body.below, to, to + extra, body.environment, depth);
-                    rest = values.isRow(more) ? values.listOf(more, extra) : values.pairOf(more, EMPTY_CELL);
-                }
-                row = values.joined(row, parameters, rest);
-            }
+                    ? body.rowOfArguments(parameters, count, hasRest)
+                    : values.rowOfList(list, parameters, hasRest);
             int bound = parameters + (hasRest ? 1 : 0);
             inner = heap.at(closure, AROUND);
             if (bound == 1 && !values.isRow(row)) {
                 inner = heap.make(ONE_ENVIRONMENT, 0, row, inner, 0);
             } else if (bound > 0) {
-                inner = heap.make(ENVIRONMENT, 0, row, inner, bound);
+                inner = heap.make(ENVIRONMENT, 0, row, inner, body.placeOfCall() << COUNT_BITS | bound);
             }
             due = ENTERING;
         }
@@ -4916,7 +5041,7 @@ public final class WindwardScheme {
             if (due == ENTERING) {
                 int address = heap.at(procedure, CODE);
                 int slots = (address & OFFSET_MASK) + BODY_PLACE;
-                body.startWith(address >>> OFFSET_BITS, SEQUENCE | slots << SLOT_SHIFT, inner);
+                body.startWith(address >>> OFFSET_BITS, SEQUENCE | ACTIVE | slots << SLOT_SHIFT, inner);
             } else {
                 control(due, arguments.get(0), arguments.get(1), arguments.get(2));
             }

@@ -14,7 +14,7 @@ public final class ManyValues {
 
     /** The argument is the part of the tests that is run; without one all of them are run. */
     public static void main(String[] args) throws IllegalAccessException {
-        String part = args.length > 0 ? args[0] : "123";
+        String part = args.length > 0 ? args[0] : "12345";
         if (part.contains("1")) {
             partsThatWait();
             argumentsThatStay();
@@ -31,6 +31,11 @@ public final class ManyValues {
         }
         if (part.contains("3")) {
             variablesInAnyOrder();
+        }
+        if (part.contains("4")) {
+            manyVariablesInAnyOrder();
+        }
+        if (part.contains("5")) {
             orderedAndComeBackTo();
             programsThatAreKept();
         }
@@ -40,25 +45,36 @@ public final class ManyValues {
 
     /** Runs the last program for as many calls as there are: it never ends. */
     private static void endless(String what, String... programs) throws IllegalAccessException {
+        if (System.getenv("TELL") != null) System.out.println(what + " " + System.nanoTime() / 1000000 % 1000000);
         WindwardScheme x = new WindwardScheme();
         for (int i = 0; i < programs.length - 1; i++) due(what + " " + i, finish(x, programs[i]), 'v');
         long before = x.applications();
         x.begin(lay(x, programs[programs.length - 1]));
         char state = x.state();
-        for (int i = 0; i < 505 && state == 'r'; i++) state = x.run(500);
+        for (int i = 0; i < 505 && state == 'r'; i++) state = run(what, x);
         due(what, state == 'e' ? "e " + x.error() : String.valueOf(state), 'r');
         due(what + " applications", x.applications() - before, 505 * 500);
         due(what + " sound", x.isSound(), true);
         RoomTests.room(what, x, 7200000);
     }
 
+    /** Each call ends within some seconds. */
+    private static char run(String what, WindwardScheme x) {
+        long begun = System.nanoTime();
+        char state = x.run(500);
+        double seconds = (System.nanoTime() - begun) / 1e9;
+        if (seconds > 5) due(what + " took", seconds + " s", "some seconds");
+        return state;
+    }
+
     /** Runs the last program until it comes to this value. */
     private static void comesTo(String what, String value, String... programs) throws IllegalAccessException {
+        if (System.getenv("TELL") != null) System.out.println(what + " " + System.nanoTime() / 1000000 % 1000000);
         WindwardScheme x = new WindwardScheme();
         for (int i = 0; i < programs.length - 1; i++) due(what + " " + i, finish(x, programs[i]), 'v');
         x.begin(lay(x, programs[programs.length - 1]));
         char state = x.state();
-        for (int i = 0; i < 505 && state == 'r'; i++) state = x.run(500);
+        for (int i = 0; i < 505 && state == 'r'; i++) state = run(what, x);
         due(what, state == 'e' ? "e " + x.error() : String.valueOf(state), 'v');
         if (state == 'v') due(what + " value", RoomTests.valueOf(x), value);
         RoomTests.room(what, x, 7200000);
@@ -371,6 +387,9 @@ public final class ManyValues {
         endless("variables of 20 levels", "(s3 s59 0)", "(s4 s59 " + open + "(s2 () " + symbols(30, 20, "(s4 s%d (s2 () s%d))") + "(s10 "
                 + symbols(30, 20, "s%d") + " (s59)))" + close + ")", "(s59)");
         settingsOnTheWayBack();
+    }
+
+    private static void manyVariablesInAnyOrder() throws IllegalAccessException {
         for (int parts : new int[] {10, 50}) {
             endless(8 * parts + " variables in any order by call", NAMES, "(s6 s51 () ((s8 (s31 s32) (s33 s34) s7) (s3 s59 (s2 (s31 s33 s7 s32 s34 s7) "
                     + "(s5 (s1 s31 (s59 s32 s34 s7 s31 s33 s7) (s59 s33 s7 s31 s32 s34 s7)) s31)))))", "(s50 (" + symbols(1, parts, "%d") + ") ())",

@@ -1,15 +1,31 @@
-/** The runs of calls in which issues told a fault, with the answers that are due. */
+/**
+ * The runs of calls in which issues told a fault, with the answers that are due; those of later issues are files under
+ * src/test/runs. Run from the project's root.
+ */
 public final class ToldFaults {
     private static int wrong;
+    // A call that takes longer than this is taken for one that does not end.
+    private static final double MOST_SECONDS = 5;
 
-    private static void due(String what, Object got, Object want) {
+    private static synchronized void due(String what, Object got, Object want) {
         if (!String.valueOf(got).equals(String.valueOf(want))) {
             wrong++;
             System.out.println(what + " answered " + got + ", due is " + want);
         }
     }
 
-    public static void main(String[] args) {
+    public static void main(String[] args) throws Exception {
+        java.util.List<java.nio.file.Path> files = new java.util.ArrayList<>();
+        try (java.util.stream.Stream<java.nio.file.Path> all = java.nio.file.Files.list(java.nio.file.Path.of("src/test/runs"))) {
+            all.sorted().forEach(files::add);
+        }
+        java.util.List<Thread> threads = new java.util.ArrayList<>();
+        for (int i = 0; i < 4; i++) {
+            int first = i;
+            threads.add(new Thread(null, () -> playFiles(files, first), "files", 1 << 24));
+            threads.get(i).start();
+        }
+        for (Thread thread : threads) thread.join();
         manyValuesThatWait();
         longListAppliedAmongManyValues();
         thousandsOfValuesThatWait();
@@ -17,6 +33,18 @@ public final class ToldFaults {
         play(new WindwardScheme(), VARIABLES_IN_CHANGING_ORDER);
         System.out.println(wrong == 0 ? "no told fault is left" : wrong + " answers are not as due");
         if (wrong != 0) System.exit(1);
+    }
+
+    private static void playFiles(java.util.List<java.nio.file.Path> files, int first) {
+        for (int i = first; i < files.size(); i += 4) {
+            try {
+                int before = wrong;
+                play(new WindwardScheme(), java.nio.file.Files.readString(files.get(i)).replace("\n", ""));
+                if (wrong > before) System.out.println("(in " + files.get(i) + ", or another one at the same time)");
+            } catch (java.io.IOException e) {
+                due(files.get(i).toString(), "not read", "read");
+            }
+        }
     }
 
     /** Plays calls: e empty, s symbol, p pair, n number, b begin, r run, each with its arguments, what it must answer, and how often. */
@@ -27,6 +55,7 @@ public final class ToldFaults {
             String want = words[words.length - (times == 1 ? 1 : 2)];
             for (int i = 0; i < times; i++) {
                 Object got;
+                long begun = System.nanoTime();
                 switch (words[0]) {
                     case "e": got = x.empty(); break;
                     case "s": got = x.symbol(Integer.parseInt(words[1])); break;
@@ -34,9 +63,18 @@ public final class ToldFaults {
                     case "p": got = x.pair(Integer.parseInt(words[1]), Integer.parseInt(words[2])); break;
                     case "t": got = x.truth(Boolean.parseBoolean(words[1])); break;
                     case "b": got = x.begin(Integer.parseInt(words[1])); break;
+                    case "x": got = x.writeExpanded(Integer.parseInt(words[1])); break;
+                    case "g": got = x.writeGlobal(Integer.parseInt(words[1])); break;
+                    case "K": got = x.valueKind(); break;
+                    case "A": got = x.valueAmount(); break;
+                    case "W": got = x.writeValue(); break;
+                    case "S": got = x.state(); break;
+                    case "E": got = x.state() == 'e' ? x.error() : "THREW"; break;
                     default: got = x.run(Integer.parseInt(words[1]));
                 }
                 due(call + " (" + i + ")", got, want);
+                double seconds = (System.nanoTime() - begun) / 1e9;
+                if (seconds > MOST_SECONDS) due(call + " (" + i + ")", seconds + " s", "in time");
             }
         }
     }

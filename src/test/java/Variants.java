@@ -17,7 +17,10 @@ import java.util.spi.ToolProvider;
  * the project's root. Arguments: how many objects for each copy, the first seed, the copies (if not all of them).
  */
 public final class Variants {
-    private static final String[] LAZY = {"MOST_PLAIN = 4;", "MOST_PLAIN = -1;", "MOST_GATHERED = 6;", "MOST_GATHERED = 0;"};
+    private static final String[] LAZY = {"MOST_PLAIN = 3;", "MOST_PLAIN = -1;"};
+    private static final String[] LAZY_VERSIONS = and(LAZY, "MOST_SETTINGS = 2;", "MOST_SETTINGS = 0;", "MOST_AT_END = 6;", "MOST_AT_END = 0;");
+    private static final String[] OFTEN_HELD = {"Math.max(LEAST_LENGTH, countOf(environment))", "1", "MOST_GLOBAL = 64;", "MOST_GLOBAL = 2;"};
+    private static final String[] NEVER_HELD = {"Math.max(LEAST_LENGTH, countOf(environment))", "1000000", "MOST_GLOBAL = 64;", "MOST_GLOBAL = 1000000;"};
 
     private static final Map<String, String[]> CHANGES = new LinkedHashMap<>();
 
@@ -25,21 +28,18 @@ public final class Variants {
         CHANGES.put("nothing is held", LAZY);
         CHANGES.put("always collected", and(LAZY, "if (made >= due)", "if (made >= 100)", "heap.freeCells >= needed)",
                 "heap.freeCells >= needed && false)", "if (heap.freeCells < STEP) {", "if (true) {"));
-        CHANGES.put("a small ring", and(LAZY, "RING = 4096;", "RING = 64;", "MOST_AT_ONCE = 128;", "MOST_AT_ONCE = 32;"));
-        CHANGES.put("shallow rows", and(LAZY, "LEAST_DEPTH = 32;", "LEAST_DEPTH = 2;", "MORE_DEPTH = 64;", "MORE_DEPTH = 1;",
-                "LEAST_LENGTH = 4;", "LEAST_LENGTH = 1;", "MOST_GLOBAL = 24;", "MOST_GLOBAL = 2;", "MOST_SETTINGS = 2;", "MOST_SETTINGS = 0;"));
-        CHANGES.put("many versions", and(LAZY, "MOST_SETTINGS = 2;", "MOST_SETTINGS = 0;", "MOST_GLOBAL = 24;", "MOST_GLOBAL = 200;",
-                "LEAST_LENGTH = 4;", "LEAST_LENGTH = 400;"));
-        CHANGES.put("groups at once", and(LAZY, "MOST_SETTINGS = 2;", "MOST_SETTINGS = 0;", "FEW_TOGETHER = 3;", "FEW_TOGETHER = 1;",
-                "MORE_EPISODES = 40;", "MORE_EPISODES = 3;"));
-        CHANGES.put("groups that stay", and(LAZY, "MOST_SETTINGS = 2;", "MOST_SETTINGS = 0;", "FEW_TOGETHER = 3;", "FEW_TOGETHER = 1;",
-                "LEAST_LENGTH = 4;", "LEAST_LENGTH = 400;", "if (made >= due)", "if (made >= 500)"));
-        CHANGES.put("few keys", and(LAZY, "KEYS = 1024;", "KEYS = 64;", "KEYS_SHIFT = 25;", "KEYS_SHIFT = 29;", "MOST_SETTINGS = 2;", "MOST_SETTINGS = 0;"));
+        CHANGES.put("little is known", and(LAZY, "FEW_KNOWN_SHIFT = 24;", "FEW_KNOWN_SHIFT = 26;", "WAYS = 4;", "WAYS = 2;"));
+        CHANGES.put("few tasks", and(LAZY_VERSIONS, "MOST_TASKS = 1000;", "MOST_TASKS = 2;"));
+
+        CHANGES.put("all is versions", LAZY_VERSIONS);
+        CHANGES.put("often held", and(LAZY_VERSIONS, OFTEN_HELD));
+        CHANGES.put("never held", and(LAZY_VERSIONS, NEVER_HELD));
+        CHANGES.put("plain and often held", OFTEN_HELD);
+        CHANGES.put("groups at once", and(LAZY_VERSIONS, "FEW_TOGETHER = 3;", "FEW_TOGETHER = 1;"));
+        CHANGES.put("groups often held", and(and(LAZY_VERSIONS, OFTEN_HELD), "FEW_TOGETHER = 3;", "FEW_TOGETHER = 1;", "MOST_LOOKED = 256;", "MOST_LOOKED = 1;"));
+        CHANGES.put("groups that stay", and(and(LAZY_VERSIONS, NEVER_HELD), "FEW_TOGETHER = 3;", "FEW_TOGETHER = 1;", "if (made >= due)", "if (made >= 500)"));
         CHANGES.put("few images", and(LAZY, "FEW_PAGES = 64;", "FEW_PAGES = 8;", "Math.min(MAX_PAGES, 2 * mostPages)", "mostPages"));
-        CHANGES.put("long rows", and(LAZY, "NEAR = 48;", "NEAR = 0;", "MOST_LOOKED = 256;", "MOST_LOOKED = 1;", "LEAST_DEPTH = 32;", "LEAST_DEPTH = 4;",
-                "MORE_DEPTH = 64;", "MORE_DEPTH = 1;", "MOST_SETTINGS = 2;", "MOST_SETTINGS = 1;"));
-        CHANGES.put("short plain rows", new String[] {"MOST_PLAIN = 4;", "MOST_PLAIN = 0;", "MOST_GATHERED = 6;", "MOST_GATHERED = 0;",
-            "NEAR = 48;", "NEAR = 0;", "LEAST_LENGTH = 4;", "LEAST_LENGTH = 1;"});
+        CHANGES.put("short plain rows", new String[] {"MOST_PLAIN = 3;", "MOST_PLAIN = 1;", "MOST_CELLS = 2;", "MOST_CELLS = 1;", "MOST_SETTINGS = 2;", "MOST_SETTINGS = 1;"});
     }
 
     private static String[] and(String[] one, String... other) {
