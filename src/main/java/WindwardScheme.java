@@ -3343,7 +3343,7 @@ public final class WindwardScheme {
         private static final int MEMOS = 64;
         private static final int MEMO_SHIFT = 26;
         // How many versions there may be until all variables are held: more of them if there are more variables.
-        private static final int LEAST_LENGTH = 32;
+        private static final int LEAST_LENGTH = 64;
         private static final int MOST_GLOBAL = 64;
         private static final int MOST_LOOKED = 256;
         private static final int MAX_PLACES = 2048;
@@ -4570,6 +4570,9 @@ public final class WindwardScheme {
             }
             levels.used = at(BOTTOM);
             note(STAGE, SEARCH);
+            if (at(SCAN_LIMIT) < 0) {
+                return NOTHING_CELL;
+            }
             if (at(LAST) != 0) {
                 follow(looked, at(LAST));
             } else if (looked != at(EPISODE)) {
@@ -4579,14 +4582,14 @@ public final class WindwardScheme {
         }
 
         /**
-         * Whether a place is that of a form, or in it, if there is neither a call nor a setting in the form. What is in a form
-         * is ahead of its parts in the image, and behind what is in the forms ahead of it, which have been looked through.
+         * Whether a place is that of a form, or in it, if it is a sequence that is not looked into. What is in a form is ahead
+         * of its parts in the image, and behind what is in the forms ahead of it, which have been looked through.
          */
         private boolean isWithin(int looking, int slot, int formPlace, int place) {
             int content = slot >>> SLOT_SHIFT;
             int tag = slot & TAG_MASK;
-            if (place == 0 || formPlace == place || (slot & ACTIVE) != 0 || tag != BRANCH && tag != SEQUENCE) {
-                return place != 0 && formPlace == place;
+            if (place <= 0 || formPlace == place || (slot & ACTIVE) != 0 || tag != SEQUENCE) {
+                return place > 0 && formPlace == place;
             }
             int part = content;
             for (int i = 0; i < MAX_ROW && part < place && store.word(looking, part) != 0; i++) {

@@ -65,6 +65,14 @@ public final class RoomTests {
     /** Looks whether the object is within the room, and within the elements that this kind of run should need. */
     static void room(String what, WindwardScheme x, long most) throws IllegalAccessException {
         Set<Object> seen = Collections.newSetFromMap(new IdentityHashMap<>());
+        long elements = count(x, seen);
+        System.out.println(what + ": " + seen.size() + " objects, " + elements + " fields and elements");
+        due(what + " objects fit", seen.size() < 600000, true);
+        due(what + " elements fit", elements < 7300000, true);
+        due(what + " elements fit in " + most, elements <= most, true);
+    }
+
+    private static long count(WindwardScheme x, Set<Object> seen) throws IllegalAccessException {
         ArrayDeque<Object> open = new ArrayDeque<>();
         open.add(x);
         seen.add(x);
@@ -83,10 +91,13 @@ public final class RoomTests {
                 if (!f.getType().isPrimitive()) add(f.get(object), seen, open);
             }
         }
-        System.out.println(what + ": " + seen.size() + " objects, " + elements + " fields and elements");
-        due(what + " objects fit", seen.size() < 600000, true);
-        due(what + " elements fit", elements < 7300000, true);
-        due(what + " elements fit in " + most, elements <= most, true);
+        return elements;
+    }
+
+    /** How many fields and elements an object holds. */
+    static long elements(WindwardScheme x) throws IllegalAccessException {
+        Set<Object> seen = Collections.newSetFromMap(new IdentityHashMap<>());
+        return count(x, seen);
     }
 
     private static void add(Object object, Set<Object> seen, ArrayDeque<Object> open) {
