@@ -3336,7 +3336,7 @@ public final class WindwardScheme {
      */
     private static final class Variables {
         private static final int MOST_SETTINGS = 2;
-        private static final int MOST_AT_END = 6;
+        private static final int MOST_AT_END = 12;
         private static final int MASK_BITS = 23;
         private static final int HEADS = 1024;
         private static final int HEADS_SHIFT = 22;
@@ -3470,7 +3470,8 @@ public final class WindwardScheme {
             if (isEndOfBody) {
                 replaceVersions();
             }
-            boolean areMany = canBeAgain && environments.used > (isEndOfBody ? MOST_AT_END : MOST_SETTINGS);
+            boolean isSetAgain = isEndOfBody && isUnseen(environments.get(0));
+            boolean areMany = canBeAgain && environments.used > (isSetAgain ? MOST_AT_END : MOST_SETTINGS);
             int episode = areMany ? values.lastEpisode(environment) : 0;
             int repeated = 0;
             for (int i = 0; i < environments.used; i++) {
@@ -3500,17 +3501,20 @@ public final class WindwardScheme {
             }
         }
 
-        /**
-         * The version of a variable that was set whose value may be another one, as no episode was made that sees it; 0 if
-         * there is none.
-         */
+        /** Whether variables were set, and no episode was made since that sees it. */
+        private boolean isUnseen(int environment) {
+            boolean isSeen = environment == 0 ? values.isGlobalSeen : (heap.noteOf(environment) & SEEN) != 0;
+            return !isSeen && isVersion(newestOf(environment));
+        }
+
+        /** The version of a variable that was set whose value may be another one, as it is unseen; 0 if there is none. */
         private int replaceable(int setting) {
             int environment = environments.get(setting);
             int version = newestOf(environment);
             int stamp = heap.at(version, STAMP);
             boolean isAlone = countOf(environment) == 1;
-            boolean isSeen = environment == 0 ? values.isGlobalSeen : (heap.noteOf(environment) & SEEN) != 0;
-            for (int i = 0; i < MAX_PLACES && !isSeen && isVersion(version) && heap.at(version, STAMP) == stamp; i++) {
+            boolean isUnseen = isUnseen(environment);
+            for (int i = 0; i < MAX_PLACES && isUnseen && isVersion(version) && heap.at(version, STAMP) == stamp; i++) {
                 int cellKind = heap.kindOf(version);
                 boolean isOfIt = cellKind == SETTING && heap.noteOf(version) == places.get(setting);
                 if (isOfIt || isAlone && cellKind == ALL_SET) {

@@ -18,7 +18,7 @@ import java.util.spi.ToolProvider;
  */
 public final class Variants {
     private static final String[] LAZY = {"MOST_PLAIN = 3;", "MOST_PLAIN = -1;"};
-    private static final String[] LAZY_VERSIONS = and(LAZY, "MOST_SETTINGS = 2;", "MOST_SETTINGS = 0;", "MOST_AT_END = 6;", "MOST_AT_END = 0;");
+    private static final String[] LAZY_VERSIONS = and(LAZY, "MOST_SETTINGS = 2;", "MOST_SETTINGS = 0;", "MOST_AT_END = 12;", "MOST_AT_END = 0;");
     private static final String[] OFTEN_HELD = {"Math.max(LEAST_LENGTH, countOf(environment))", "1", "MOST_GLOBAL = 64;", "MOST_GLOBAL = 2;"};
     private static final String[] NEVER_HELD = {"Math.max(LEAST_LENGTH, countOf(environment))", "1000000", "MOST_GLOBAL = 64;", "MOST_GLOBAL = 1000000;"};
 
