@@ -2714,6 +2714,12 @@ public final class WindwardScheme {
         private static final int MOST_PLAIN = 3;
         private static final int MOST_CELLS = 2;
         private static final int MOST_TESTS = 61;
+        private static final int GLOBAL_DEPTH = 127;
+        private static final int TEST_DEPTH = 126;
+        private static final int DEPTH_BITS = 7;
+        private static final int WAY = 4;
+        private static final int WAYS = 1024;
+        private static final int WAYS_SHIFT = 22;
         private static final int NO_LENGTH = -1;
         private static final int UNKNOWN_LENGTH = -2;
         static final int NONE = -1;
@@ -2740,6 +2746,9 @@ public final class WindwardScheme {
         private final Row testsOfBody;
         private final Row begun;
         final Row stack;
+        // What was found on the way through code: the code, the key, the limit, a place.
+        private final Row ways;
+        private int waysCollections;
 
         Values(Heap heap, Store store) {
             this.heap = heap;
@@ -2755,6 +2764,7 @@ public final class WindwardScheme {
             begun = new Row(2, 2);
             stack = heap.newRoots(16, MAX_ROW);
             stack.used = 0;
+            ways = new Row(WAY, WAY * WAYS);
             forgetBody();
         }
 
@@ -2859,6 +2869,73 @@ public final class WindwardScheme {
                 want(environment, ~place);
             }
             return value;
+        }
+
+        // ---- what was found in the code of episodes
+
+        /**
+         * By what an episode is known that takes the same way through the same code as others: its tests, which variable is
+         * looked for, or which test, if the target is -1; 0 if that is not known, NONE if the variable is not seen in it.
+         */
+        private int keyOfWay(int episode, int target, int place) {
+            int gift = heap.at(episode, ITEM);
+            int tests = 1;
+            if (heap.kindOf(episode) == BEGUN) {
+                tests = heap.noteOf(episode) >>> PROGRAM_BITS;
+            } else if (heap.kindOf(gift) == TESTS) {
+                boolean isShort = heap.at(gift, 3) == 0 && heap.at(gift, 2) >>> NOTE_BITS - PROGRAM_BITS == 0;
+                tests = isShort ? heap.at(gift, 2) : 0;
+            }
+            int around = heap.at(episode, AROUND);
+            int depth = target == 0 ? GLOBAL_DEPTH : target < 0 ? TEST_DEPTH : 0;
+            for (int i = 0; i < MAX_LEVEL && target > 0 && around != target; i++) {
+                if (around == 0) {
+                    return NONE;
+                }
+                around = heap.at(around, NEXT);
+                depth++;
+            }
+            return tests == 0 ? 0 : (tests << DEPTH_BITS | depth) << COUNT_BITS | place;
+        }
+
+        private int codeOf(int episode) {
+            int note = heap.noteOf(episode);
+            boolean isBegun = heap.kindOf(episode) == BEGUN;
+            return isBegun ? (note & PROGRAM_MASK) << OFFSET_BITS | heap.at(episode, ITEM) >>> SLOT_SHIFT : ~note;
+        }
+
+        private static int wayOf(int code, int key, int limit) {
+            return WAY * ((code * 0x9E3779B1 + key * 0x7FEB352D + limit * 0x2C1B3C6D) * 0x85EBCA6B >>> WAYS_SHIFT);
+        }
+
+        /**
+         * The place of what an episode set a variable to at last, ahead of a limit or its end, or of what is chosen by a test;
+         * NONE if it did not set it; 0 if that is not known.
+         */
+        int knownOnWay(int episode, int target, int place, int limit) {
+            int key = keyOfWay(episode, target, place);
+            int code = codeOf(episode);
+            int way = wayOf(code, key, limit);
+            boolean isKnown = waysCollections == heap.collections
+                    && ways.get(way) == code && ways.get(way + 1) == key && ways.get(way + 2) == limit;
+            return key == NONE ? NONE : key != 0 && isKnown ? ways.get(way + 3) : 0;
+        }
+
+        /** Keeps what was found on the way through an episode. */
+        void knowOnWay(int episode, int target, int place, int limit, int found) {
+            int key = keyOfWay(episode, target, place);
+            int code = codeOf(episode);
+            int way = wayOf(code, key, limit);
+            if (waysCollections != heap.collections) {
+                ways.fillWithZeros();
+                waysCollections = heap.collections;
+            }
+            if (key > 0) {
+                ways.put(way, code);
+                ways.put(way + 1, key);
+                ways.put(way + 2, limit);
+                ways.put(way + 3, found);
+            }
         }
 
         /** In which part of a form that has its slots at a place an episode went on; -1 if it began outside. */
@@ -3066,7 +3143,7 @@ public final class WindwardScheme {
                     int tests = high != 0 || low >>> NOTE_BITS - PROGRAM_BITS != 0 ? 0 : low;
                     episode = heap.make(BEGUN, begun.get(0) | tests << PROGRAM_BITS, begun.get(1), environment, stamp);
                 } else {
-                    gift = high != 0 || low >>> 1 != 0 ? heap.make(TESTS, 0, gift, low, high) : gift;
+                    gift = high != 0 || low != 1 ? heap.make(TESTS, 0, gift, low, high) : gift;
                     episode = heap.make(RESUMED, path, gift, environment, stamp);
                 }
                 episodes.put(index, episode);
@@ -4395,7 +4472,13 @@ public final class WindwardScheme {
                     if (chosen > 0) {
                         note(PLACE, content + chosen);
                     } else if (values.testOf(episode, 0) >= 0) {
-                        beginScan(episode, -content);
+                        int known = values.knownOnWay(episode, -1, 0, -content);
+                        note(PLACE, known > 0 ? known : place);
+                        if (known <= 0) {
+                            beginScan(episode, -content);
+                        } else if (store.word(values.programOf(episode), known) == 0) {
+                            return NOTHING_CELL;
+                        }
                     } else {
                         beginTest(CHOICE, episode, content);
                     }
@@ -4470,10 +4553,18 @@ public final class WindwardScheme {
                     int then = cellKind == SETTING ? row : values.plainAt(row, place);
                     return then == 0 ? NOTHING_CELL : then;
                 }
-                if (isSeen) {
-                    beginScan(isOwn ? episode : heap.at(version, ITEM), isOwn ? at(PLACE) : 0);
+                int looked = !isSeen ? 0 : isOwn ? episode : heap.at(version, ITEM);
+                int limit = isOwn ? at(PLACE) : 0;
+                int set = isSeen ? values.knownOnWay(looked, target, place, limit) : Values.NONE;
+                if (set == 0) {
+                    beginScan(looked, limit);
                     return 0;
                 }
+                if (set > 0) {
+                    follow(looked, set);
+                    return 0;
+                }
+                note(SCANNED, isOwn && isSeen ? episode : at(SCANNED));
                 goBack();
             }
             int found = at(VERSION) == 0 ? NOTHING_CELL : values.variable(target, at(VERSION), place, false);
@@ -4560,6 +4651,7 @@ public final class WindwardScheme {
                     note(TESTS_SEEN, at(TESTS_SEEN) + 1);
                     int chosen = test + 2 - holds;
                     if (at(SCAN_LIMIT) == -test) {
+                        values.knowOnWay(looked, -1, 0, -test, chosen);
                         levels.used = at(BOTTOM);
                         note(PLACE, chosen);
                         note(STAGE, PART);
@@ -4577,6 +4669,8 @@ public final class WindwardScheme {
             if (at(SCAN_LIMIT) < 0) {
                 return NOTHING_CELL;
             }
+            int set = at(LAST) == 0 ? Values.NONE : at(LAST);
+            values.knowOnWay(looked, at(TARGET), at(TARGET_PLACE), at(SCAN_LIMIT), set);
             if (at(LAST) != 0) {
                 follow(looked, at(LAST));
             } else if (looked != at(EPISODE)) {
