@@ -123,7 +123,7 @@ public final class EndlessRuns {
             bound = parameters == 0 ? "s" + name : "(" + list + " . s" + name + ")";
             seen.add(name);
             settable.add(name);
-            arguments += random.nextInt(3) == 0 ? random.nextInt(30) : random.nextInt(4);
+            arguments += random.nextInt(3) == 0 ? random.nextInt(40) : random.nextInt(4);
         }
         extra = names.remove(names.size() - 1);
         return "(s4 s30 " + open + "(s2 " + bound + " " + body() + ")" + close + ")";
@@ -142,7 +142,7 @@ public final class EndlessRuns {
         }
         String call = "(s30" + values(arguments) + ")";
         if (random.nextInt(6) == 0) call = "(s24 s30 " + listOf(arguments) + ")";
-        int waiting = random.nextInt(3) == 0 ? 0 : random.nextInt(2) == 0 ? random.nextInt(4) : random.nextInt(31);
+        int waiting = random.nextInt(3) == 0 ? 0 : random.nextInt(2) == 0 ? random.nextInt(4) : random.nextInt(41);
         for (int i = random.nextInt(3); i > 0; i--) call = around(call);
         if (waiting > 0) {
             StringBuilder form = new StringBuilder("(");

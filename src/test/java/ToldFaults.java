@@ -26,6 +26,7 @@ public final class ToldFaults {
             threads.get(i).start();
         }
         for (Thread thread : threads) thread.join();
+        changed();
         manyValuesThatWait();
         longListAppliedAmongManyValues();
         thousandsOfValuesThatWait();
@@ -45,6 +46,47 @@ public final class ToldFaults {
                 due(files.get(i).toString(), "not read", "read");
             }
         }
+    }
+
+    /** Runs that are told in the issues, with other numbers. */
+    private static void changed() throws Exception {
+        for (String levels : new String[] {"3", "12", "20"}) {
+            WindwardScheme x = began("issue19", "n 8 1 167;", "n " + levels + " 1 167;", ";r 500 r;r 500 v;K n;A 7");
+            ends("issue 19 with " + levels, x, "7");
+        }
+        for (String levels : new String[] {"4", "12", "23"}) {
+            WindwardScheme x = began("issue22", "n 8 1 256;", "n " + levels + " 1 256;", ";r 500 v;K n;A 7");
+            ends("issue 22 with " + levels, x, "7");
+        }
+        WindwardScheme x = began("issue20", "", "", ";x 49 1");
+        due("begin behind much", x.begin(49), 'r');
+        ends("a rule behind much", x, "1");
+        x = began("issue27", "", "", ";g 57 29");
+        x.begin(x.symbol(57));
+        ends("a list that is the value", x, "(1 1 1 1 1 1 1 1 1 1 1 1 1 1)");
+        x.begin(list(x, x.symbol(17), list(x, x.symbol(18), x.symbol(57))));
+        ends("first and rest of it", x, "1");
+    }
+
+    private static int list(WindwardScheme x, int one, int other) {
+        return x.pair(one, x.pair(other, x.empty()));
+    }
+
+    /** An object behind the calls of a file, but for the last ones, with something in place of something else. */
+    private static WindwardScheme began(String file, String old, String changed, String last) throws java.io.IOException {
+        String calls = java.nio.file.Files.readString(java.nio.file.Path.of("src/test/runs/" + file + ".txt")).replace("\n", "");
+        due(file + " has its end", calls.endsWith(last), true);
+        WindwardScheme x = new WindwardScheme();
+        play(x, calls.substring(0, calls.length() - last.length()).replace(old.isEmpty() ? "?" : old, changed));
+        return x;
+    }
+
+    /** The run ends with this value. */
+    private static void ends(String what, WindwardScheme x, String value) {
+        char state = x.state();
+        for (int i = 0; i < 100 && state == 'r'; i++) state = x.run(500);
+        due(what, state, 'v');
+        due(what + " value", state == 'v' ? RoomTests.valueOf(x) : state, value);
     }
 
     /** Plays calls: e empty, s symbol, p pair, n number, b begin, r run, each with its arguments, what it must answer, and how often. */
