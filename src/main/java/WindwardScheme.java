@@ -168,6 +168,12 @@ public final class WindwardScheme {
     private static final int CHUNK_BITS = 10;
     private static final int CHUNK_CELLS = 1024;
     private static final int MAX_CHUNKS = 2900;
+    // Chunks and pages of programs take their room from the same one. Pages leave as many words as the applications can need
+    // that are still to come; the number of calls is known by what has been laid, begun and run.
+    private static final int MOST_WORDS = 6900000;
+    private static final int PAGE_WORDS = 256;
+    private static final int MAX_CALLS = 512;
+    private static final int WORDS_OF_CALL = 10000;
     private static final int MAX_CELLS = MAX_CHUNKS * CHUNK_CELLS;
     private static final long LOW_WORD = 0xFFFFFFFFL;
     private static final int KIND_MASK = 63;
@@ -595,6 +601,8 @@ public final class WindwardScheme {
         private boolean isStackShort;
         private int free;
         int freeCells;
+        int pages;
+        int calls;
         private int made;
         private int due;
         private int live;
@@ -633,12 +641,23 @@ public final class WindwardScheme {
             return spareCells() >= cells + reserve;
         }
 
+        private int mostChunks() {
+            return Math.min(MAX_CHUNKS, (MOST_WORDS - pages * PAGE_WORDS) / (2 * CHUNK_CELLS));
+        }
+
+        /** How many pages there may be, so that there is room for the cells that may still be needed. */
+        int mostPages() {
+            int words = Math.max(0, MAX_CALLS - calls) * WORDS_OF_CALL + chunkCount * 2 * CHUNK_CELLS;
+            return (MOST_WORDS - words) / PAGE_WORDS;
+        }
+
         private int spareCells() {
-            return freeCells + (MAX_CHUNKS - chunkCount) * CHUNK_CELLS;
+            return freeCells + Math.max(0, mostChunks() - chunkCount) * CHUNK_CELLS;
         }
 
         private void addChunks(int cells) {
-            for (int i = 0; i < MAX_CHUNKS && freeCells < cells && chunkCount < MAX_CHUNKS; i++) {
+            int most = mostChunks();
+            for (int i = 0; i < MAX_CHUNKS && freeCells < cells && chunkCount < most; i++) {
                 addChunk();
             }
         }
@@ -945,8 +964,9 @@ public final class WindwardScheme {
      */
     private static final class Store {
         private static final int MAX_PROGRAMS = 1000;
-        private static final int MAX_PAGES = 2400;
-        private static final int PAGE_NUMBERS = 512;
+        private static final int MAX_PAGES = 24000;
+        private static final int MIN_PAGES = 2400;
+        private static final int PAGE_NUMBERS = 2 * PAGE_WORDS;
         private static final int PAGE_BITS = 9;
         private static final int PAGE_MASK = 511;
         private static final int MEANING_SHIFT = 6;
@@ -1044,6 +1064,7 @@ public final class WindwardScheme {
                 return -1;
             }
             heap.keep(cell);
+            heap.calls++;
             cells[count] = cell;
             firsts[count] = first;
             rests[count] = rest;
@@ -1288,6 +1309,7 @@ public final class WindwardScheme {
                 return 0;
             }
             programs++;
+            heap.calls++;
             return begunProgram(programs, datum);
         }
 
@@ -1430,7 +1452,8 @@ public final class WindwardScheme {
 
         /** Lets there be some free pages, if that can be; other images may be given up for them, the largest one first. */
         boolean hasPages(int needed) {
-            int most = Math.min(MAX_PAGES, mostPages + countOfPages(open));
+            int allowed = Math.min(MAX_PAGES, Math.max(MIN_PAGES, heap.mostPages()));
+            int most = Math.min(allowed, mostPages + countOfPages(open));
             for (int i = 0; i < MAX_PROGRAMS && freePages.used < needed && pageCount + needed > most; i++) {
                 int largest = 0;
                 for (int j = 1; j < tables.length; j++) {
@@ -1441,7 +1464,7 @@ public final class WindwardScheme {
                 }
                 dropImage(largest);
             }
-            for (int i = 0; i < needed && freePages.used < needed && pageCount < MAX_PAGES; i++) {
+            for (int i = 0; i < needed && freePages.used < needed && pageCount < allowed; i++) {
                 makePage();
             }
             return freePages.used >= needed;
@@ -1459,6 +1482,7 @@ public final class WindwardScheme {
                 pages[pageCount] = new Row(PAGE_NUMBERS, 0);
                 freePages.add(pageCount);
                 pageCount++;
+                heap.pages = pageCount;
             }
         }
 
@@ -4861,6 +4885,7 @@ public final class WindwardScheme {
 
         /** Lets there be so many applications. */
         void refuel(int units) {
+            heap.calls++;
             fuel = units;
         }
 
