@@ -3151,6 +3151,10 @@ public final class WindwardScheme {
             return begins.get(begins.used - 1);
         }
 
+        boolean isLastMade() {
+            return episodes.get(begins.used - 1) != 0;
+        }
+
         int lastEpisode(int environment) {
             return episodeAt(begins.used - 1, environment);
         }
@@ -3188,7 +3192,7 @@ public final class WindwardScheme {
                 int from = begins.get(i);
                 int end = i + 1 < begins.used ? Math.min(to, begins.get(i + 1)) : to;
                 if (end > from) {
-                    boolean isPlain = from >= below && episodes.get(i) == 0 && areFew(from - below, end - from);
+                    boolean isPlain = from >= below && episodes.get(i) == 0 && areFew(from - below, end - from, MOST_CELLS);
                     int item = isPlain ? plain(stack, from - below, end - from) : episodeAt(i, environment);
                     row = from == 0 ? item : heap.make(JOINED, 0, item, row, from);
                 }
@@ -3197,13 +3201,13 @@ public final class WindwardScheme {
         }
 
         /** Whether so many values of the stack take few cells if they are held as they are. */
-        boolean areFew(int first, int count) {
+        boolean areFew(int first, int count, int most) {
             int cells = count > 1 ? 1 : 0;
             for (int i = first; i < first + count && count <= MOST_PLAIN; i++) {
                 int cellKind = heap.kindOf(stack.get(i));
                 cells += cellKind == CLOSURE || cellKind == VIEW || cellKind == QUOTED ? 1 : 0;
             }
-            return count <= MOST_PLAIN && cells <= MOST_CELLS;
+            return count <= MOST_PLAIN && cells <= most;
         }
 
         // ---- lists
@@ -3448,7 +3452,7 @@ public final class WindwardScheme {
         private static final int MOST_GLOBAL = 64;
         private static final int MOST_LOOKED = 256;
         private static final int MAX_PLACES = 2048;
-        private static final int FEW_TOGETHER = 3; // environments that become a group
+        private static final int FEW_TOGETHER = 2; // environments that become a group
         private static final int MEMO = 4;
         static final int VERSION_FOUND = 2;
         static final int MEMBER_FOUND = 3;
@@ -3941,6 +3945,7 @@ public final class WindwardScheme {
         private static final int SAVED = 4;
         private static final int MOST_TASKS = 1000;
         private static final int MAX_MARKS = 65536;
+        private static final int MOST_CELLS = 2; // that a few values may take
         private static final int LEAST_PARTS = 64; // that lead from one to the next, until arguments are held
         private static final int MAX_PENDING = 65536;
 
@@ -4233,7 +4238,8 @@ public final class WindwardScheme {
                 return 0;
             }
             // What is not applied by code has few arguments, and no episode in which they came about.
-            boolean isPlain = values.countOfEpisodes() == 0 || first >= 0 && (values.areFew(first, count) || isHeld(count));
+            boolean isPlain = values.countOfEpisodes() == 0
+                    || first >= 0 && (values.areFew(first, count, isEpisodeMade() ? 0 : MOST_CELLS) || isHeld(count));
             if (isPlain && hasRest && extra <= 1) {
                 int rest = extra == 0 ? EMPTY_CELL : values.pairOf(stack.get(first + parameters), EMPTY_CELL);
                 stack.put(first + parameters, rest);
@@ -4253,6 +4259,11 @@ public final class WindwardScheme {
             }
             int note = count << COUNT_BITS + 1 | (hasRest ? HAS_REST : 0) | parameters;
             return heap.make(ARGUMENTS, note, row, isPlain ? 0 : placeOfCall(), start);
+        }
+
+        /** Whether the episode at hand is made or will be made for what waits, so that arguments take no cell more by it. */
+        private boolean isEpisodeMade() {
+            return values.isLastMade() || level >= 0 && start - values.beginOfLast() > MOST_CELLS + 1;
         }
 
         /** Whether so many arguments are held as they are: some are, now and then, so that no value is found by too many parts. */
