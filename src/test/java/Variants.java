@@ -12,7 +12,7 @@ import java.util.Map;
 import java.util.spi.ToolProvider;
 
 /**
- * RandomRuns on copies of the class in which what is rare is common: no value is held that can be evaluated again, little
+ * RandomRuns and DeepRuns on copies of the class in which what is rare is common: no value is held that can be evaluated again, little
  * is kept, images are given up at once, cells are collected all the time. Every answer must still be the same. Run from
  * the project's root. Arguments: how many objects for each copy, the first seed, the copies (if not all of them).
  */
@@ -73,6 +73,9 @@ public final class Variants {
         try {
             System.out.println(name + " ..");
             loader.loadClass("RandomRuns").getMethod("main", String[].class).invoke(null, (Object) new String[] {objects, seed});
+            // Images that are given up at once take too long for many frames of several programs.
+            String deep = name.equals("few images") ? "2" : name.equals("always collected") ? "40" : "120";
+            loader.loadClass("DeepRuns").getMethod("main", String[].class).invoke(null, (Object) new String[] {objects, seed, deep});
         } catch (ReflectiveOperationException e) {
             e.printStackTrace();
             System.exit(1);
@@ -94,7 +97,7 @@ public final class Variants {
         StringWriter said = new StringWriter();
         PrintWriter out = new PrintWriter(said);
         int code = ToolProvider.findFirst("javac").orElseThrow().run(out, out, "-d", place.toString(), changed.toString(),
-                "src/test/java/RandomRuns.java", "src/test/java/PlainScheme.java");
+                "src/test/java/RandomRuns.java", "src/test/java/PlainScheme.java", "src/test/java/DeepRuns.java");
         if (code != 0) {
             System.out.println(said);
             System.exit(1);
