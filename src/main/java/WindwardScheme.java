@@ -170,7 +170,7 @@ public final class WindwardScheme {
     private static final int MAX_CHUNKS = 2900;
     // Chunks and pages of programs take their room from the same one. Pages leave as many words as the applications can need
     // that are still to come; the number of calls is known by what has been laid, begun and run.
-    private static final int MOST_WORDS = 6900000;
+    private static final int MOST_WORDS = 6800000;
     private static final int PAGE_WORDS = 256;
     private static final int MAX_CALLS = 512;
     private static final int WORDS_OF_CALL = 10000;
@@ -581,13 +581,12 @@ public final class WindwardScheme {
         private static final int SHARED_SHIFT = 18;
         private static final int FEW_SHARED_SHIFT = 22;
         private static final int FEW_CHUNKS = 64;
-        // What was found is known for a while, in sets of a few entries each.
+        // What was found is known for a while, in sets of a few entries each; more of them if much is forgotten.
         private static final int WAYS = 4;
         private static final int ENTRY = 4;
-        private static final int KNOWN_SHIFT = 20;
-        private static final int SOME_KNOWN_SHIFT = 22;
+        private static final int KNOWN_SHIFT = 18;
         private static final int FEW_KNOWN_SHIFT = 24;
-        private static final int SOME_CHUNKS = 16;
+        private static final int MOST_FORGOTTEN = 4; // times the number of entries
 
         private final Row[] chunks;
         private int chunkCount;
@@ -596,6 +595,7 @@ public final class WindwardScheme {
         private final Row shared;
         private Row memo; // cell, place, and what was found there
         private int knownShift;
+        private int forgotten; // of what was known, since there were so many entries
         private int[] stack;
         private int stacked;
         private boolean isStackShort;
@@ -732,11 +732,13 @@ public final class WindwardScheme {
 
         /** Keeps what was found for a cell and a place, ahead of what has been known for longer. */
         void know(int cell, int place, int value) {
-            int shift = chunkCount >= FEW_CHUNKS ? KNOWN_SHIFT : chunkCount >= SOME_CHUNKS ? SOME_KNOWN_SHIFT : FEW_KNOWN_SHIFT;
-            if (shift != knownShift || memo.words.length == 0) {
+            int entries = memo.words.length / (ENTRY / 2);
+            boolean areShort = knownShift > KNOWN_SHIFT && forgotten > MOST_FORGOTTEN * entries;
+            if (areShort || entries == 0) {
                 Row before = memo;
-                knownShift = shift;
-                memo = new Row(WAYS * ENTRY << 32 - shift, 0);
+                knownShift = entries == 0 ? FEW_KNOWN_SHIFT : knownShift - 2;
+                forgotten = 0;
+                memo = new Row(WAYS * ENTRY << 32 - knownShift, 0);
                 for (int i = 2 * before.words.length - ENTRY; i >= 0; i -= ENTRY) {
                     putKnown(before.get(i), before.get(i + 1), before.get(i + 2));
                 }
@@ -750,6 +752,8 @@ public final class WindwardScheme {
             for (int i = last; i >= first; i -= ENTRY) {
                 last = memo.get(i) == cell && memo.get(i + 1) == place ? i : last;
             }
+            boolean isThere = memo.get(last) == cell && memo.get(last + 1) == place;
+            forgotten += isThere || memo.get(last) == 0 ? 0 : 1;
             for (int i = last + 2; i >= first + ENTRY; i--) {
                 memo.put(i, memo.get(i - ENTRY));
             }

@@ -28,7 +28,7 @@ public final class Variants {
         CHANGES.put("nothing is held", LAZY);
         CHANGES.put("always collected", and(LAZY, "if (made >= due)", "if (made >= 100)", "heap.freeCells >= needed)",
                 "heap.freeCells >= needed && false)", "if (heap.freeCells < STEP) {", "if (true) {"));
-        CHANGES.put("little is known", and(LAZY, "FEW_KNOWN_SHIFT = 24;", "FEW_KNOWN_SHIFT = 26;", "WAYS = 4;", "WAYS = 2;"));
+        CHANGES.put("little is known", and(LAZY, " KNOWN_SHIFT = 18;", " KNOWN_SHIFT = 26;", "FEW_KNOWN_SHIFT = 24;", "FEW_KNOWN_SHIFT = 26;", "WAYS = 4;", "WAYS = 2;"));
         CHANGES.put("few tasks", and(LAZY_VERSIONS, "MOST_TASKS = 1000;", "MOST_TASKS = 2;"));
 
         CHANGES.put("all is versions", LAZY_VERSIONS);
