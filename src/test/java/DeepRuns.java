@@ -11,7 +11,7 @@ import java.util.concurrent.atomic.AtomicInteger;
 public final class DeepRuns {
     private static final int[] NAMES = {11, 15, 17, 18, 25, 27, 29, 31, 32, 33, 34, 35, 36, 37, 38, 39, 40, 41,
         42, 43, 44, 45, 46, 47, 48, 49, 50, 51, 52, 53, 54, 55, 56, 57, 58, 59};
-    private static final double MOST_SECONDS = 5;
+    private static final double MOST_SECONDS = 60;
 
     private final Random random;
     private final List<Integer> seen = new ArrayList<>();

@@ -11,7 +11,7 @@ import java.util.concurrent.atomic.AtomicInteger;
 public final class EndlessRuns {
     private static final int[] NAMES = {11, 12, 13, 15, 17, 18, 19, 25, 27, 29, 31, 32, 33, 34, 35, 36, 37, 38, 39, 40, 41,
         42, 43, 44, 45, 46, 47, 48, 49, 50, 51, 52, 53, 54, 55, 56, 57, 58, 59};
-    private static final double MOST_SECONDS = 5;
+    private static final double MOST_SECONDS = 60;
     private static final int MOST_ROOM = 5500000; // with more of it, a program is told
 
     private final Random random;

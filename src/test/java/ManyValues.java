@@ -63,7 +63,7 @@ public final class ManyValues {
         long begun = System.nanoTime();
         char state = x.run(500);
         double seconds = (System.nanoTime() - begun) / 1e9;
-        if (seconds > 5) due(what + " took", seconds + " s", "some seconds");
+        if (seconds > 60) due(what + " took", seconds + " s", "some seconds");
         return state;
     }
 

@@ -4,8 +4,8 @@
  */
 public final class ToldFaults {
     private static int wrong;
-    // A call that takes longer than this is taken for one that does not end.
-    private static final double MOST_SECONDS = 5;
+    // A call that takes longer than this is taken for one that does not end; much longer than it takes alone, as many tests run.
+    private static final double MOST_SECONDS = 60;
 
     private static synchronized void due(String what, Object got, Object want) {
         if (!String.valueOf(got).equals(String.valueOf(want))) {
