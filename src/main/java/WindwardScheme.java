@@ -170,7 +170,7 @@ public final class WindwardScheme {
     private static final int MAX_CHUNKS = 2900;
     // Chunks and pages of programs take their room from the same one. Pages leave as many words as the applications can need
     // that are still to come; the number of calls is known by what has been laid, begun and run.
-    private static final int MOST_WORDS = 6800000;
+    private static final int MOST_WORDS = 6600000;
     private static final int PAGE_WORDS = 256;
     private static final int MAX_CALLS = 512;
     private static final int WORDS_OF_CALL = 10000;
