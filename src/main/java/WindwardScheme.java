@@ -3208,10 +3208,15 @@ public final class WindwardScheme {
         boolean areFew(int first, int count, int most) {
             int cells = count > 1 ? 1 : 0;
             for (int i = first; i < first + count && count <= MOST_PLAIN; i++) {
-                int cellKind = heap.kindOf(stack.get(i));
-                cells += cellKind == CLOSURE || cellKind == VIEW || cellKind == QUOTED ? 1 : 0;
+                cells += isCostly(stack.get(i)) ? 1 : 0;
             }
             return count <= MOST_PLAIN && cells <= most;
+        }
+
+        /** Whether a value takes a cell if it is held, as it would be made again otherwise. */
+        boolean isCostly(int value) {
+            int cellKind = heap.kindOf(value);
+            return cellKind == CLOSURE || cellKind == VIEW || cellKind == QUOTED;
         }
 
         // ---- lists
@@ -3568,9 +3573,10 @@ public final class WindwardScheme {
         /**
          * Lets the settings of the episode at hand be versions, as it ends. If they are many, they are looked for in the
          * episode; but not if its code does not tell where it ended. When a body ends, nothing of it is looked at again, so
-         * they may take the place of those that nothing looks at.
+         * they may take the place of those that nothing looks at. If the episode is kept for its values, too, and the values
+         * that were set take cells, they are looked for in it, too.
          */
-        void commit(int environment, boolean canBeAgain, boolean isEndOfBody) {
+        void commit(int environment, boolean canBeAgain, boolean isEndOfBody, boolean isEpisodeKept) {
             for (int i = 0; i < environments.used; i++) {
                 if (environments.get(i) != 0) {
                     heap.know(environments.get(i), ~places.get(i), contents.get(i));
@@ -3580,7 +3586,8 @@ public final class WindwardScheme {
                 replaceVersions();
             }
             boolean isSetAgain = isEndOfBody && isUnseen(environments.get(0));
-            boolean areMany = canBeAgain && environments.used > (isSetAgain ? MOST_AT_END : MOST_SETTINGS);
+            int most = isSetAgain ? MOST_AT_END : isEpisodeKept && hasCostly() ? 0 : MOST_SETTINGS;
+            boolean areMany = canBeAgain && environments.used > most;
             int episode = areMany ? values.lastEpisode(environment) : 0;
             int repeated = 0;
             for (int i = 0; i < environments.used; i++) {
@@ -3594,6 +3601,15 @@ public final class WindwardScheme {
                 length = 0;
             }
             forgetSettings();
+        }
+
+        /** Whether variables were set to values that take a cell if they are held. */
+        private boolean hasCostly() {
+            boolean isCostly = false;
+            for (int i = 0; i < contents.used && i <= MOST_SETTINGS; i++) {
+                isCostly = isCostly || values.isCostly(contents.get(i));
+            }
+            return isCostly;
         }
 
         /** Lets settings take the place of versions that no episode looks at; if that can be for all of them, none is left. */
@@ -4243,7 +4259,7 @@ public final class WindwardScheme {
             }
             // What is not applied by code has few arguments, and no episode in which they came about.
             boolean isPlain = values.countOfEpisodes() == 0
-                    || first >= 0 && (values.areFew(first, count, isEpisodeMade() ? 0 : MOST_CELLS) || isHeld(count));
+                    || first >= 0 && (values.areFew(first, count, values.isLastMade() || isEpisodeKept() ? 0 : MOST_CELLS) || isHeld(count));
             if (isPlain && hasRest && extra <= 1) {
                 int rest = extra == 0 ? EMPTY_CELL : values.pairOf(stack.get(first + parameters), EMPTY_CELL);
                 stack.put(first + parameters, rest);
@@ -4265,9 +4281,10 @@ public final class WindwardScheme {
             return heap.make(ARGUMENTS, note, row, isPlain ? 0 : placeOfCall(), start);
         }
 
-        /** Whether the episode at hand is made or will be made for what waits, so that arguments take no cell more by it. */
-        private boolean isEpisodeMade() {
-            return values.isLastMade() || level >= 0 && start - values.beginOfLast() > MOST_CELLS + 1;
+        /** Whether the episode at hand will be made for what waits, or for many arguments. */
+        boolean isEpisodeKept() {
+            return level >= 0 && start - values.beginOfLast() > MOST_CELLS + 1
+                    || values.countOfEpisodes() > 0 && countOfArguments() > MOST_CELLS + 1;
         }
 
         /** Whether so many arguments are held as they are: some are, now and then, so that no value is found by too many parts. */
@@ -4881,7 +4898,7 @@ public final class WindwardScheme {
         /** Gives up what there was of an earlier run. */
         void stop() {
             tallies[ABANDONED] += countOfWinds();
-            variables.commit(body.environment, true, false);
+            variables.commit(body.environment, true, false, false);
             giveUp();
             save();
         }
@@ -4922,14 +4939,14 @@ public final class WindwardScheme {
                 } else if (hasRoom && body.mode == Body.TAKE && !body.isDone()) {
                     body.take();
                 } else if (hasRoom && body.mode == Body.TAKE && canGoOn()) {
-                    variables.commit(body.environment, true, true);
+                    variables.commit(body.environment, true, true, false);
                     if (frames == 0) {
                         finish();
                     } else {
                         giveToFrame(frames);
                     }
                 } else if (hasRoom && body.mode == Body.APPLY && isReady()) {
-                    variables.commit(body.environment, true, false);
+                    variables.commit(body.environment, true, false, body.isEpisodeKept());
                     fuel--;
                     tallies[APPLICATIONS]++;
                     tallies[APPLICATIONS_OF_RUN]++;
@@ -4952,7 +4969,7 @@ public final class WindwardScheme {
                     }
                 }
                 if (!hasRoom || body.mode > Body.APPLY) {
-                    variables.commit(body.environment, false, false);
+                    variables.commit(body.environment, false, false, false);
                     fail(hasRoom ? (char) body.mode : 'o');
                 }
             }
@@ -4965,7 +4982,7 @@ public final class WindwardScheme {
             values.wanted = 0;
             if (!isThere) {
                 body.dropTasks();
-                variables.commit(body.environment, false, false);
+                variables.commit(body.environment, false, false, false);
                 fail('o');
             }
         }
