@@ -641,6 +641,10 @@ public final class WindwardScheme {
             return spareCells() >= cells + reserve;
         }
 
+        int cells() {
+            return chunkCount * CHUNK_CELLS;
+        }
+
         private int mostChunks() {
             return Math.min(MAX_CHUNKS, (MOST_WORDS - pages * PAGE_WORDS) / (2 * CHUNK_CELLS));
         }
@@ -2742,6 +2746,9 @@ public final class WindwardScheme {
         private static final int MOST_PLAIN = 3;
         private static final int MOST_CELLS = 2;
         private static final int MOST_TESTS = 61;
+        private static final int MOST_STAMPS = 1500000000;
+        private static final int BUCKET_BITS = 12;
+        private static final int MAX_BUCKETS = 1 << 19;
         private static final int GLOBAL_DEPTH = 127;
         private static final int TEST_DEPTH = 126;
         private static final int DEPTH_BITS = 7;
@@ -2799,6 +2806,55 @@ public final class WindwardScheme {
         int nextStamp() {
             stamps++;
             return stamps;
+        }
+
+        boolean areStampsLarge() {
+            return stamps >= MOST_STAMPS;
+        }
+
+        /** Lets stamps be smaller numbers in the same order: they are left out by the thousand where no cell bears one. */
+        void renumber() {
+            Row seen = new Row(MAX_BUCKETS / 32, 0);
+            Row ranks = new Row(MAX_BUCKETS / 32, 0);
+            see(seen, 0);
+            see(seen, stamps);
+            for (int i = 0; i < begins.used; i++) {
+                see(seen, times.get(i));
+            }
+            for (int cell = 1; cell < heap.cells(); cell++) {
+                see(seen, hasStamp(cell) ? heap.at(cell, STAMP) : 0);
+            }
+            for (int i = 1; i < MAX_BUCKETS / 32; i++) {
+                ranks.put(i, ranks.get(i - 1) + Integer.bitCount(seen.get(i - 1)));
+            }
+            for (int cell = 1; cell < heap.cells(); cell++) {
+                if (hasStamp(cell)) {
+                    heap.put(cell, STAMP, renumbered(seen, ranks, heap.at(cell, STAMP)));
+                }
+            }
+            for (int i = 0; i < begins.used; i++) {
+                times.put(i, renumbered(seen, ranks, times.get(i)));
+            }
+            stamps = renumbered(seen, ranks, stamps);
+        }
+
+        private boolean hasStamp(int cell) {
+            int cellKind = heap.kindOf(cell);
+            boolean isOfVersion = cellKind >= SETTING && cellKind <= GROUP_SETTINGS && cellKind != GROUP;
+            boolean isOfEpisode = cellKind == BEGUN || cellKind == RESUMED;
+            return isOfVersion || isOfEpisode || cellKind == CLOSURE || cellKind == VIEW || cellKind == QUOTED;
+        }
+
+        private static void see(Row seen, int stamp) {
+            int bucket = stamp >> BUCKET_BITS;
+            seen.put(bucket >> 5, seen.get(bucket >> 5) | 1 << (bucket & 31));
+        }
+
+        private static int renumbered(Row seen, Row ranks, int stamp) {
+            int bucket = stamp >> BUCKET_BITS;
+            int ahead = seen.get(bucket >> 5) & (1 << (bucket & 31)) - 1;
+            int rank = ranks.get(bucket >> 5) + Integer.bitCount(ahead);
+            return rank << BUCKET_BITS | stamp & (1 << BUCKET_BITS) - 1;
         }
 
         // ---- what episodes came to
@@ -3890,6 +3946,11 @@ public final class WindwardScheme {
             return memos.get(memo + which);
         }
 
+        /** Lets nothing be noted by its time. */
+        void forgetPlaces() {
+            memos.fillWithZeros();
+        }
+
         /** Where the newest version is noted, and its group, of those that are older than this time. */
         int seek(int environment, int time) {
             if (memoCollections != heap.collections) {
@@ -4919,6 +4980,10 @@ public final class WindwardScheme {
         void refuel(int units) {
             heap.calls++;
             fuel = units;
+            if (values.areStampsLarge()) {
+                values.renumber();
+                variables.forgetPlaces();
+            }
         }
 
         /** Goes on with the run; the number of a program that must be expanded for it first, or 0 at the end. */

@@ -38,6 +38,8 @@ public final class Variants {
         CHANGES.put("groups at once", and(LAZY_VERSIONS, "FEW_TOGETHER = 2;", "FEW_TOGETHER = 1;"));
         CHANGES.put("groups often held", and(and(LAZY_VERSIONS, OFTEN_HELD), "FEW_TOGETHER = 2;", "FEW_TOGETHER = 1;", "MOST_LOOKED = 256;", "MOST_LOOKED = 1;"));
         CHANGES.put("groups that stay", and(and(LAZY_VERSIONS, NEVER_HELD), "FEW_TOGETHER = 2;", "FEW_TOGETHER = 1;", "if (made >= due)", "if (made >= 500)"));
+        CHANGES.put("small stamps", and(LAZY_VERSIONS, "MOST_STAMPS = 1500000000;", "MOST_STAMPS = 300;", "BUCKET_BITS = 12;", "BUCKET_BITS = 1;",
+                "stamps++;", "stamps += 7;"));
         CHANGES.put("few images", and(LAZY, "FEW_PAGES = 64;", "FEW_PAGES = 8;", "Math.min(MAX_PAGES, 2 * mostPages)", "mostPages"));
         CHANGES.put("short plain rows", new String[] {"MOST_PLAIN = 3;", "MOST_PLAIN = 1;", "MOST_CELLS = 2;", "MOST_CELLS = 0;", "MOST_SETTINGS = 2;", "MOST_SETTINGS = 1;"});
     }
