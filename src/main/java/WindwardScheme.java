@@ -736,34 +736,39 @@ public final class WindwardScheme {
 
         /** Keeps what was found for a cell and a place, ahead of what has been known for longer. */
         void know(int cell, int place, int value) {
-            int entries = memo.words.length / (ENTRY / 2);
-            boolean areShort = knownShift > KNOWN_SHIFT && forgotten > MOST_FORGOTTEN * entries;
-            if (areShort || entries == 0) {
-                Row before = memo;
-                knownShift = entries == 0 ? FEW_KNOWN_SHIFT : knownShift - 2;
-                forgotten = 0;
-                memo = new Row(WAYS * ENTRY << 32 - knownShift, 0);
-                for (int i = 2 * before.words.length - ENTRY; i >= 0; i -= ENTRY) {
-                    putKnown(before.get(i), before.get(i + 1), before.get(i + 2));
-                }
+            long[] words = memo.words;
+            int first = ((cell * 0x9E3779B1 + place * 0x7FEB352D) * 0x85EBCA6B >>> knownShift) * WAYS * ENTRY >> 1;
+            int last = first + (WAYS - 1) * ENTRY / 2;
+            if (first < 0 || last + 1 >= words.length) {
+                forgotten++;
+                return;
             }
-            putKnown(cell, place, value);
+            long key = cell & LOW_WORD | (long) place << 32;
+            for (int i = last; i >= first; i -= 2) {
+                last = words[i] == key ? i : last;
+            }
+            forgotten += words[last] == key || words[last] == 0 ? 0 : 1;
+            for (int i = last; i > first; i -= 2) {
+                words[i] = words[i - 2];
+                words[i + 1] = words[i - 1];
+            }
+            words[first] = key;
+            words[first + 1] = value & LOW_WORD;
         }
 
-        private void putKnown(int cell, int place, int value) {
-            int first = ((cell * 0x9E3779B1 + place * 0x7FEB352D) * 0x85EBCA6B >>> knownShift) * WAYS * ENTRY;
-            int last = first + (WAYS - 1) * ENTRY;
-            for (int i = last; i >= first; i -= ENTRY) {
-                last = memo.get(i) == cell && memo.get(i + 1) == place ? i : last;
+        /** Lets more be known, if much is forgotten. */
+        void growKnown() {
+            int entries = memo.words.length / (ENTRY / 2);
+            if (forgotten <= MOST_FORGOTTEN * entries || entries > 0 && knownShift <= KNOWN_SHIFT) {
+                return;
             }
-            boolean isThere = memo.get(last) == cell && memo.get(last + 1) == place;
-            forgotten += isThere || memo.get(last) == 0 ? 0 : 1;
-            for (int i = last + 2; i >= first + ENTRY; i--) {
-                memo.put(i, memo.get(i - ENTRY));
+            Row before = memo;
+            knownShift = entries == 0 ? FEW_KNOWN_SHIFT : knownShift - 2;
+            memo = new Row(WAYS * ENTRY << 32 - knownShift, 0);
+            for (int i = 2 * before.words.length - ENTRY; i >= 0; i -= ENTRY) {
+                know(before.get(i), before.get(i + 1), before.get(i + 2));
             }
-            memo.put(first, cell);
-            memo.put(first + 1, place);
-            memo.put(first + 2, value);
+            forgotten = 0;
         }
 
         int at(int cell, int field) {
@@ -2746,6 +2751,7 @@ public final class WindwardScheme {
         private static final int MOST_PLAIN = 3;
         private static final int MOST_CELLS = 2;
         private static final int MOST_TESTS = 61;
+        private static final int NEAR = 48; // places of a row that are not looked for again and again
         private static final int MOST_STAMPS = 1500000000;
         private static final int BUCKET_BITS = 12;
         private static final int MAX_BUCKETS = 1 << 19;
@@ -3069,11 +3075,19 @@ public final class WindwardScheme {
             if (heap.kindOf(row) != ITEMS) {
                 return index == 0 ? row : 0;
             }
+            int value = index < NEAR ? 0 : heap.known(row, index);
+            if (value != 0 || index < 0) {
+                return value;
+            }
             int cell = row;
             for (int i = 0; i < index / 3; i++) {
                 cell = heap.noteOf(cell);
             }
-            return index < 0 ? 0 : heap.at(cell, index % 3 + 1);
+            value = heap.at(cell, index % 3 + 1);
+            if (index >= NEAR) {
+                heap.know(row, index, value);
+            }
+            return value;
         }
 
         /**
@@ -3088,7 +3102,13 @@ public final class WindwardScheme {
                 if (at == heap.at(node, EXTRA)) {
                     return heap.at(node, NEXT);
                 }
-                int tail = tailOf(heap.at(node, ITEM), at);
+                int tail = at < NEAR ? 0 : heap.known(node, at);
+                if (tail == 0) {
+                    tail = tailOf(heap.at(node, ITEM), at);
+                    if (at >= NEAR) {
+                        heap.know(node, at, tail);
+                    }
+                }
                 node = heap.at(tail, ITEM);
                 if (heap.kindOf(tail) != VIEW || !isRow(node)) {
                     return tail == 0 ? 0 : partOf(tail);
@@ -4454,6 +4474,7 @@ public final class WindwardScheme {
          */
         boolean find(int reserve) {
             boolean isRight = true;
+            heap.growKnown();
             if (values.wanted > 0) {
                 beginTask(values.wanted, values.wantedPlace);
                 values.wanted = 0;
@@ -4481,6 +4502,7 @@ public final class WindwardScheme {
                 }
                 if (found != 0) {
                     endTask(found);
+                    heap.growKnown();
                 }
             }
             save();
@@ -5058,6 +5080,7 @@ public final class WindwardScheme {
                     + CELLS_OF_EPISODE * values.countOfEpisodes()
                     + CELLS_OF_SETTING * variables.countOfSettings()
                     + (list == 0 ? 0 : 2 * SLACK);
+            heap.growKnown();
             if (heap.freeCells >= needed) {
                 return true;
             }
