@@ -2471,8 +2471,21 @@ public final class WindwardScheme {
 
         /** As many cells as the variables of a rule are bound in at once: again below each ellipsis around. */
         private int cellsFor(int rule) {
-            int measure = store.measureOf(rule);
-            return (measure & SIZE_MASK) * (measure >> DEPTH_SHIFT & DEPTH_MASK);
+            int pattern = heap.at(rule, FIRST);
+            int deepest = store.measureOf(pattern) >> DEPTH_SHIFT & DEPTH_MASK;
+            return names(pattern, false, 0) * (2 + Math.min(deepest, names(pattern, true, 0)));
+        }
+
+        /** How many names there are in a pattern, or just ellipses. */
+        private int names(int pattern, boolean areEllipses, int level) {
+            int count = 0;
+            int cell = pattern;
+            for (int i = 0; i < MAX_SIZE && heap.kindOf(cell) == PAIR && level <= MAX_LEVEL; i++) {
+                count += names(heap.at(cell, FIRST), areEllipses, level + 1);
+                cell = heap.at(cell, REST);
+            }
+            boolean isCounted = store.isName(cell) && (!areEllipses || store.symbolOf(cell) == ELLIPSIS_SYMBOL);
+            return isCounted ? count + 1 : count;
         }
 
         private boolean makeRoom(int cells) {
