@@ -1425,10 +1425,6 @@ public final class WindwardScheme {
             }
         }
 
-        int endOfImage() {
-            return end;
-        }
-
         /** Puts a number behind the image that is made; where it is. */
         int emit(int number) {
             if (end >> PAGE_BITS >= countOfPages(open)) {
@@ -4027,9 +4023,10 @@ public final class WindwardScheme {
         static final int EVALUATE = 0;
         static final int TAKE = 1;
         static final int APPLY = 2;
-        // What a task knows: the part of an episode that is looked at, how far it is; the variable that is looked for, the version at hand and its group; the episode whose settings are looked through, up to a place, the
-        // form at hand in it, how many tests were ahead, what was found; what the task is for; where its levels and marks
-        // begin; how many parts led to this one; what a test came to.
+        // What a task knows: the part of an episode that is looked at, how far it is; the variable that is looked for, the
+        // version at hand and its group; the episode whose settings are looked through, up to a place, the form at hand in it,
+        // how many tests were ahead, what was found; what the task is for; where its levels and marks begin; how many parts
+        // led to this one; what a test came to.
         private static final int EPISODE = 0;
         private static final int PLACE = 1;
         private static final int STAGE = 2;
@@ -4330,11 +4327,6 @@ public final class WindwardScheme {
 
         // ---- frames
 
-        /** Whether the body waits for what is applied. */
-        boolean waits() {
-            return level >= 0;
-        }
-
         /** Where the parts of the call are in the code that is to be applied. */
         int placeOfCall() {
             return nodes.get(level + 1) >>> SLOT_SHIFT;
@@ -4352,8 +4344,9 @@ public final class WindwardScheme {
                 return 0;
             }
             // What is not applied by code has few arguments, and no episode in which they came about.
+            int most = values.isLastMade() || isEpisodeKept() ? 0 : MOST_CELLS;
             boolean isPlain = values.countOfEpisodes() == 0
-                    || first >= 0 && (values.areFew(first, count, values.isLastMade() || isEpisodeKept() ? 0 : MOST_CELLS) || isHeld(count));
+                    || first >= 0 && (values.areFew(first, count, most) || isHeld(count));
             if (isPlain && hasRest && extra <= 1) {
                 int rest = extra == 0 ? EMPTY_CELL : values.pairOf(stack.get(first + parameters), EMPTY_CELL);
                 stack.put(first + parameters, rest);
@@ -4381,7 +4374,7 @@ public final class WindwardScheme {
                     || values.countOfEpisodes() > 0 && countOfArguments() > MOST_CELLS + 1;
         }
 
-        /** Whether so many arguments are held as they are: some are, now and then, so that no value is found by too many parts. */
+        /** Whether so many arguments are held as they are: some are, now and then, so that no chain of parts is too long. */
         private boolean isHeld(int count) {
             return (values.lastStamp() * 0x9E3779B1 >>> 1) % (LEAST_PARTS + count / 2) == 0;
         }
