@@ -4197,6 +4197,10 @@ public final class WindwardScheme {
                     }
                     return;
                 case LOCAL:
+                    if (isDropped()) {
+                        found = NOTHING_CELL;
+                        break;
+                    }
                     int around = variables.around(environment, form);
                     int place = Variables.placeOf(form);
                     found = variables.justSet(around, place);
@@ -4218,11 +4222,18 @@ public final class WindwardScheme {
             }
         }
 
+        /** Whether the value of the form at hand is dropped, as it is a part of a sequence, and not the last one. */
+        private boolean isDropped() {
+            return level >= 0 && (nodes.get(level) & TAG_MASK) == SEQUENCE;
+        }
+
         private void evaluateOther(int node) {
             int info = store.word(program, node + 1);
             switch (store.word(program, node)) {
                 case LAMBDA:
-                    give(heap.make(CLOSURE, info, program << OFFSET_BITS | node, environment, values.lastStamp()));
+                    int address = program << OFFSET_BITS | node;
+                    boolean isMade = !isDropped();
+                    give(isMade ? heap.make(CLOSURE, info, address, environment, values.lastStamp()) : NOTHING_CELL);
                     break;
                 case QUOTE:
                     give(heap.make(QUOTED, 0, program << OFFSET_BITS | info, 0, 0));
