@@ -3756,7 +3756,7 @@ public final class WindwardScheme {
                 return false;
             }
             if (episode == 0 && countOf(target) == 1) {
-                setNewest(target, heap.make(ALL_SET, fullAt(before), contents.get(setting), before, stamp));
+                setNewest(target, heap.make(ALL_SET, furtherThan(target, before), contents.get(setting), before, stamp));
                 return false;
             }
             setNewest(target, episode == 0
@@ -3764,6 +3764,14 @@ public final class WindwardScheme {
                     : heap.make(SETTINGS, bit, episode, before, stamp));
             note(target);
             return episode != 0 && target != 0 && heap.kindOf(before) == SETTINGS;
+        }
+
+        /** A version further back in which all variables are held, of one variable: one of many is known to those behind it. */
+        private int furtherThan(int environment, int before) {
+            int count = (heap.noteOf(environment) & ~SEEN) + 1 & SEEN - 1;
+            heap.setNote(environment, count);
+            boolean isHere = count % LEAST_LENGTH == 0 || heap.kindOf(before) != ALL_SET || heap.noteOf(before) == 0;
+            return isHere ? fullAt(before) : heap.noteOf(before);
         }
 
         // ---- groups
