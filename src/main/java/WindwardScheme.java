@@ -5103,8 +5103,7 @@ public final class WindwardScheme {
         private boolean hasRoom() {
             int needed = STEP
                     + CELLS_OF_EPISODE * values.countOfEpisodes()
-                    + CELLS_OF_SETTING * variables.countOfSettings()
-                    + (list == 0 ? 0 : 2 * SLACK);
+                    + CELLS_OF_SETTING * variables.countOfSettings();
             heap.growKnown();
             if (heap.freeCells >= needed) {
                 return true;
