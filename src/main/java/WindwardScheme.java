@@ -131,15 +131,15 @@ public final class WindwardScheme {
     private static final int DEPTH_OUT_SHIFT = 15;
     private static final int PLACE_MASK = 2047;
 
-    // The nodes of code, by their first number. Ahead of slots and nodes are the slot of the form around and which of its
-    // slots this is.
-    private static final int LAMBDA = 1; // twice the parameters and 1 for a rest, two zeros, the slots of the body
+    // The nodes of code, by their first number. Ahead of slots and nodes of forms that can wait are the slot of the form around
+    // and which of its slots this is.
+    private static final int LAMBDA = 0; // twice the parameters and 1 for a rest, the slots of the body
     private static final int SET_LOCAL = 2; // variable, slot
     private static final int SET_GLOBAL = 3; // symbol, slot
     private static final int DEFINITION = 4; // symbol, slot
     private static final int SYNTAX = 5; // symbol
     private static final int QUOTE = 6; // where the first pair is
-    private static final int BODY_PLACE = 4; // of the slots in a lambda
+    private static final int BODY_PLACE = 2; // of the slots in a lambda; nothing is around them, as its first number is 0
     private static final int OFFSET_BITS = 21; // of a place in the code of a program, as far as cells hold it
     private static final int OFFSET_MASK = (1 << 21) - 1;
     // How many variables an environment has, with the place of the call of its arguments above; how many arguments are bound
@@ -1425,6 +1425,10 @@ public final class WindwardScheme {
             }
         }
 
+        int nextOffset() {
+            return end;
+        }
+
         /** Puts a number behind the image that is made; where it is. */
         int emit(int number) {
             if (end >> PAGE_BITS >= countOfPages(open)) {
@@ -2507,19 +2511,20 @@ public final class WindwardScheme {
             int first = starts.get(level);
             int last = slots.used;
             if (level > 0) {
-                int place = beginNode();
+                boolean isLambda = kind == nodeOf(LAMBDA);
+                int place = isLambda ? store.nextOffset() : beginNode();
                 int around = kind & TAG_MASK | place << SLOT_SHIFT;
-                int active = kind == CALL || kind == BRANCH || kind > OTHER && kind != nodeOf(LAMBDA) ? ACTIVE : 0;
+                int active = kind == CALL || kind == BRANCH || kind > OTHER ? ACTIVE : 0;
                 slots.used = first;
                 if ((kind & TAG_MASK) == OTHER) {
                     store.emit(kind >> SLOT_SHIFT);
                     store.emit(infos.get(level));
                 }
-                if (kind == nodeOf(LAMBDA)) {
-                    around = SEQUENCE | beginNode() << SLOT_SHIFT;
+                if (isLambda) {
+                    around = SEQUENCE | place + BODY_PLACE << SLOT_SHIFT;
                 }
                 for (int i = first; i < last; i++) {
-                    active |= kind == nodeOf(LAMBDA) ? 0 : slots.get(i) & ACTIVE;
+                    active |= isLambda ? 0 : slots.get(i) & ACTIVE;
                     link(slots.get(i), around, i - first);
                 }
                 store.emit(0);
@@ -2538,7 +2543,7 @@ public final class WindwardScheme {
 
         /** Puts a slot into the image, and tells its node what is around it. */
         private void link(int slot, int around, int index) {
-            if ((slot & TAG_MASK) <= OTHER) {
+            if ((slot & TAG_MASK) < OTHER || (slot & ACTIVE) != 0) {
                 store.patch((slot >>> SLOT_SHIFT) - 2, around);
                 store.patch((slot >>> SLOT_SHIFT) - 1, index);
             }
@@ -2646,8 +2651,7 @@ public final class WindwardScheme {
 
         private int syntaxForm(int symbol, int definition) {
             store.setNewRules(program, definition);
-            int place = beginNode();
-            store.emit(SYNTAX);
+            int place = store.emit(SYNTAX);
             store.emit(symbol);
             return OTHER | place << SLOT_SHIFT;
         }
@@ -2699,8 +2703,7 @@ public final class WindwardScheme {
             if ((plain & 1) == 0) {
                 return QUOTATION | plain >>> 1 << SLOT_SHIFT;
             }
-            int place = beginNode();
-            store.emit(QUOTE);
+            int place = store.emit(QUOTE);
             store.emit(plain >>> 1);
             return OTHER | place << SLOT_SHIFT;
         }
