@@ -2771,8 +2771,8 @@ public final class WindwardScheme {
         private static final int TEST_DEPTH = 126;
         private static final int DEPTH_BITS = 7;
         private static final int WAY = 4;
-        private static final int WAYS = 1024;
-        private static final int WAYS_SHIFT = 22;
+        private static final int WAYS = 4096;
+        private static final int WAYS_SHIFT = 20;
         private static final int NO_LENGTH = -1;
         private static final int UNKNOWN_LENGTH = -2;
         static final int NONE = -1;
