@@ -3,8 +3,8 @@ import java.util.NoSuchElementException;
 /**
  * A small Scheme whose programs are data, laid by calls or read from text, and run by units of fuel.
  *
- * <p>All that programs make lives in one heap of equal cells that are used again when nothing reaches them, so that a
- * long row of calls needs no more room than what is still in use. A cell is named by a number; 0 is no cell.
+ * <p>What programs make is put behind what was made before and never taken away: each application takes a few words, and
+ * there is room for all applications of 512 calls. So nothing is held that can be found again, see History and Finder.
  */
 public final class WindwardScheme {
     // The limits of the document.
@@ -38,162 +38,96 @@ public final class WindwardScheme {
     private static final int MACRO = 2;
     private static final int VARIABLE = 3;
 
-    // Kinds of cells: data and other values.
-    private static final int FREE = 0;
-    private static final int NUMBER = 1; // numerator, denominator
-    private static final int SYMBOL = 2; // its number
-    private static final int RENAMED = 3; // the name under it, its mark
-    private static final int TRUTH = 4; // 1 or 0
-    private static final int EMPTY = 5;
-    private static final int PAIR = 6; // first part, other part, measure or, if a program made it, length; note: see Expander
-    private static final int NOTHING = 7;
-    private static final int CLOSURE = 8; // lambda, environment, stamp; note: its parameters
-    private static final int PRIMITIVE = 9; // its symbol
-    private static final int CONTINUATION = 10; // frames, winds, handlers
-    private static final int VIEW = 11; // what it is a list of, place in it, stamp; note: how many values a row has
-    private static final int QUOTED = 12; // a pair of a program: see Store, nothing, stamp
-    // Kinds of cells: what macros and lambdas are seen by.
-    private static final int LINK = 13; // item, next
-    private static final int SCOPE = 14; // name, next; note: see Expander
-    private static final int BINDING = 15; // name or pattern, next, what it matches; note: pattern of a row: see Macros
-    // Kinds of cells: rows of values: see Values.
-    private static final int ITEMS = 16; // three values; note: next
-    private static final int ARGUMENTS = 17; // row, place of the call in code or 0, height of the call; note: see Values
-    private static final int JOINED = 18; // row from a height on, row below, height
-    private static final int LISTED = 19; // list, list for the rest or 0, how many of its parts are bound
-    // Kinds of cells: episodes, which are rows, too.
-    private static final int BEGUN = 20; // slot of a body, environment, stamp; note: program and tests
-    private static final int RESUMED = 21; // value or TESTS, environment, stamp; note: path
-    // Kinds of cells: what variables are bound to: see Variables.
-    private static final int ONE_ENVIRONMENT = 22; // value or version, the environment around
-    private static final int ENVIRONMENT = 23; // row or version, the one around, see Values; note: versions, SEEN
-    private static final int SETTING = 24; // value, the version before, stamp; note: place
-    private static final int SETTINGS = 25; // episode, the version before, stamp; note: mask of places
-    private static final int GROUPED = 26; // its newest settings in a group, the version before, stamp; note: the group
-    private static final int ALL_SET = 27; // row, the version before, stamp; note: the one before of this kind
-    private static final int GROUP = 28; // the newest settings of some environments
-    private static final int GROUP_SETTINGS = 29; // episode, the settings before, stamp; note: mask of variables
-    private static final int MEANING = 30; // literals and rules, what was before; note: symbol and meaning
-    // Kinds of cells: what is still to be done.
-    private static final int PATH = 31; // slot of the form that waits, its part at hand, height of the values; note: program
-    private static final int BODY_FRAME = 32; // row of values, next, environment; note: path
-    private static final int HANDLER_FRAME = 33; // handlers to come back to, next
-    private static final int PROMPT_FRAME = 34; // handler, next, continuation of the prompt
-    private static final int BEFORE_FRAME = 35; // wind, next, during
-    private static final int DURING_FRAME = 36; // wind, next
-    private static final int AFTER_FRAME = 37; // value, next
-    private static final int JUMP_FRAME = 38; // goal, next, innermost wind that stays
-    private static final int ENTER_FRAME = 39; // goal, next, wind to be entered
-    // Kinds of cells: what frames and registers hold.
-    private static final int WIND = 40; // thunks, the wind around it, handlers; note: a wind further out
-    private static final int THUNKS = 41; // before, after, how many winds there are with it
-    private static final int HANDLER = 42; // procedure, the handler around it, how many handlers there are with it
-    private static final int GOAL = 43; // continuation, value, procedure that takes it or 0
-    private static final int TESTS = 44; // the value that an episode went on with, what its tests came to: see Values
+    // A value is a word that tells all of it, or where the rest of it is, so that two values are the same if their words are.
+    // Its lowest bits tell what it is; the word 0 is no value.
+    private static final int VALUE_BITS = 3;
+    private static final int VALUE_MASK = 7;
+    private static final int NUMBER = 1; // numerator and a half of 2 to the 31st, denominator
+    private static final int ATOM = 2; // see below
+    private static final int PAIR = 3; // where it is in the log; or LAID and the number of a datum
+    private static final int CLOSURE = 4; // place of its lambda, activation around, interval
+    private static final int VIEW = 5; // activation, place among its arguments, how many there are
+    private static final int QUOTED = 6; // place in the image of a program, program
+    private static final int CONTINUATION = 7; // where it is in the log
+    private static final int NUMERATOR_BITS = 31;
+    private static final long HALF = 1L << 30;
+    private static final long LAID = 1L << 28;
+    private static final int COUNT_BITS = 20; // of a place among arguments, and how many there are
+    private static final int COUNT_MASK = (1 << 20) - 1;
+    // Atoms: their kind, and from ATOM_SHIFT on a number.
+    private static final int ATOM_SHIFT = 8;
+    private static final int SYMBOL_ATOM = ATOM;
+    private static final int TRUTH_ATOM = ATOM | 1 << VALUE_BITS;
+    private static final int PRIMITIVE_ATOM = ATOM | 4 << VALUE_BITS;
+    private static final int ATOM_MASK = (1 << ATOM_SHIFT) - 1;
+    private static final long FALSE = TRUTH_ATOM;
+    private static final long TRUE = TRUTH_ATOM | 1 << ATOM_SHIFT;
+    private static final long EMPTY = ATOM | 2 << VALUE_BITS;
+    private static final long NOTHING = ATOM | 3 << VALUE_BITS;
 
-    // The fields of a cell that name other cells, by kind: 1 the first field, 2 the second, 4 the third, 8 the note.
-    private static final byte[] REFERENCES = {
-        0, 0, 0, 1, 0, 0, 3, 0, 2, 0, 7, 1, 0, 3, 3, 7, 15, 1, 3, 3, 2, 11, 3, 3, 3, 3, 11, 3, 1, 3, 3, 0, 15, 3, 7, 7, 3, 3,
-        7, 7, 15, 3, 3, 7, 1
-    };
-
-    // The fields of cells, by the names that fit their kinds.
-    private static final int HEAD = 0;
-    private static final int FIRST = 1;
-    private static final int REST = 2;
-    private static final int MEASURE = 3;
-    private static final int AMOUNT = 1;
-    private static final int DENOMINATOR = 2;
-    private static final int UNDER = 1;
-    private static final int MARK = 2;
-    private static final int CODE = 1;
-    private static final int AROUND = 2;
-    private static final int STAMP = 3;
-    private static final int ITEM = 1;
-    private static final int NEXT = 2;
-    private static final int EXTRA = 3;
-    private static final int FRAMES = 1;
-    private static final int WINDS = 2;
-    private static final int HANDLERS = 3;
-
-    // What a slot of code holds, by its lowest bits.
+    // What a slot of code holds, by its lowest bits. A place is that of a slot in the image of a program.
     private static final int CALL = 0; // where its slots are
     private static final int BRANCH = 1; // where its slots are
     private static final int SEQUENCE = 2; // where its slots are
-    private static final int OTHER = 3; // where the node is; what follows is not in the image
-    private static final int CONSTANT = 4; // cell
-    private static final int QUOTATION = 5; // cell
-    private static final int LOCAL = 6; // place among the variables of its lambda, how many environments out
+    private static final int OTHER = 3; // where the node is
+    private static final int CONSTANT = 4; // number of a datum
+    private static final int QUOTATION = 5; // a datum in the image: see Store
+    private static final int LOCAL = 6; // variable of its lambda, how many environments out
     private static final int GLOBAL = 7; // symbol
     private static final int TAG_MASK = 7;
-    private static final int ACTIVE = 8; // there is a call, a test or a setting in it
+    private static final int ACTIVE = 8; // it is evaluated by its parts
     private static final int SLOT_SHIFT = 4;
-    private static final int DEPTH_OUT_SHIFT = 15;
-    private static final int PLACE_MASK = 2047;
+    private static final int VARIABLE_MASK = 4095; // place among the parameters, and REST for the one that takes the rest
+    private static final int REST = 2048;
+    private static final int DEPTH_OUT_SHIFT = 16;
 
-    // The nodes of code, by their first number. Ahead of slots and nodes of forms that can wait are the slot of the form around
-    // and which of its slots this is.
-    private static final int LAMBDA = 0; // twice the parameters and 1 for a rest, the slots of the body
+    // The nodes of code, by their first number. Ahead of slots and nodes of forms that wait for parts are the slot of the form
+    // around, and which of its slots this is, with how many slots it has itself above.
+    private static final int LAMBDA = 0; // twice the parameters and 1 for a rest, which are set; the slots of the body
     private static final int SET_LOCAL = 2; // variable, slot
     private static final int SET_GLOBAL = 3; // symbol, slot
     private static final int DEFINITION = 4; // symbol, slot
     private static final int SYNTAX = 5; // symbol
-    private static final int QUOTE = 6; // where the first pair is
     private static final int BODY_PLACE = 2; // of the slots in a lambda; nothing is around them, as its first number is 0
-    private static final int OFFSET_BITS = 21; // of a place in the code of a program, as far as cells hold it
-    private static final int OFFSET_MASK = (1 << 21) - 1;
-    // How many variables an environment has, with the place of the call of its arguments above; how many arguments are bound
-    // one by one, whether there is a rest, and how many there are.
-    private static final int COUNT_BITS = 11;
-    private static final int COUNT_MASK = 2047;
-    private static final int HAS_REST = 2048;
-    private static final int SEEN = 1 << 22; // in the note of an environment: by an episode, since it was set
+    private static final int SETS_SHIFT = 20; // some of the variables of the lambda at such places are set somewhere
+    private static final int SETS_BITS = 6;
+    private static final int SETS_MASK = 63;
+    private static final int INDEX_MASK = 4095;
+    private static final int SLOTS_SHIFT = 12;
 
-    // The cells that are always there, in the order in which Store makes them.
-    private static final int FIRST_SYMBOL_CELL = 1;
-    private static final int FALSE_CELL = 61;
-    private static final int TRUE_CELL = 62;
-    private static final int EMPTY_CELL = 63;
-    private static final int NOTHING_CELL = 64;
-    private static final int PRIMITIVE_CELLS = 55;
+    // The room: blocks of words for the history, for images of programs, and for what is at hand in an expansion.
+    private static final int BLOCK_BITS = 9;
+    private static final int BLOCK_WORDS = 512;
+    private static final int BLOCK_MASK = BLOCK_WORDS - 1;
+    private static final int MOST_BLOCKS = 12400;
+    private static final int MOST_OF_HISTORY = 9800; // the others are enough for the largest expansion
+    private static final int BLOCKS_OF_FORM = 200; // that a form and its expansion take at most
 
-    // The measure of a pair: its size, its depth, and whether a renamed symbol is in it.
-    private static final int SIZE_MASK = 4095;
-    private static final int DEPTH_SHIFT = 12;
-    private static final int DEPTH_MASK = 127;
-    private static final int RENAMED_INSIDE = 1 << 19;
-    private static final int MEASURE_OF_ONE = 1 << 12 | 1;
+    // How many bits name an interval, a place in an image, a place in the log or what waits, and a program.
+    private static final int INTERVAL_BITS = 18;
+    private static final int INTERVAL_MASK = (1 << 18) - 1;
+    private static final int OFFSET_BITS = 20;
+    private static final int OFFSET_MASK = (1 << 20) - 1;
+    private static final int LINK_BITS = 24;
+    private static final int LINK_MASK = (1 << 24) - 1;
+    private static final int MAX_PROGRAMS = 1000;
 
-    // The heap: a cell is two words of a chunk, each with two of its fields; the head is kind, flags and note.
-    private static final int CHUNK_BITS = 10;
-    private static final int CHUNK_CELLS = 1024;
-    private static final int MAX_CHUNKS = 2900;
-    // Chunks and pages of programs take their room from the same one. Pages leave as many words as the applications can need
-    // that are still to come; the number of calls is known by what has been laid, begun and run.
-    private static final int MOST_WORDS = 6600000;
-    private static final int PAGE_WORDS = 256;
-    private static final int MAX_CALLS = 512;
-    private static final int WORDS_OF_CALL = 10000;
-    private static final int MAX_CELLS = MAX_CHUNKS * CHUNK_CELLS;
-    private static final long LOW_WORD = 0xFFFFFFFFL;
-    private static final int KIND_MASK = 63;
-    private static final int MARKED = 64;
-    private static final int KEPT = 128;
-    private static final int GRAY = 256;
-    private static final int NOTE_SHIFT = 9;
-    private static final int NOTE_BITS = 23;
-    private static final int PROGRAM_BITS = 10; // of a program in a note
-    private static final int PROGRAM_MASK = 1023;
-    // Cells that are free ahead of each step, so that none is looked for within it: of one that is small, and of one in
-    // which a datum or list as large as can be is made. And those that stay free for data.
-    private static final int STEP = 1024;
-    private static final int SLACK = 8192;
-    private static final int RESERVE = 65536;
+    // Other things than bodies that wait are in the log: kind, what waits behind, subject; and another word.
+    private static final int HANDLER_FRAME = 1; // handlers to come back to
+    private static final int PROMPT_FRAME = 2; // continuation of the prompt; handler
+    private static final int BEFORE_FRAME = 3; // wind; during
+    private static final int DURING_FRAME = 4; // wind
+    private static final int AFTER_FRAME = 5; // nothing; value
+    private static final int JUMP_FRAME = 6; // goal; innermost wind that stays
+    private static final int ENTER_FRAME = 7; // goal; wind to be entered
+    private static final int FRAME_BITS = 4;
+    private static final int FRAME_MASK = 15;
 
     // Bounds of loops and recursions that no run comes near to.
+    private static final long MAX_TURNS = 1L << 50;
     private static final int MAX_STEPS = 2000000000;
     private static final int MAX_LEVEL = 104;
-    private static final int MAX_ROW = 163840;
+    private static final int LEVELS = 128;
 
     private final Store store;
     private final Writer writer;
@@ -202,47 +136,44 @@ public final class WindwardScheme {
     private final Machine machine;
 
     public WindwardScheme() {
-        Heap heap = new Heap();
-        Store laid = new Store(heap);
-        Values values = new Values(heap, laid);
-        Variables variables = new Variables(heap, laid, values);
-        Body body = new Body(heap, laid, values, variables);
+        Area room = new Area(null, MOST_BLOCKS);
+        Store laid = new Store(room);
+        History history = new History(room);
+        Settings settings = new Settings(room, history);
+        Finder finder = new Finder(laid, history, settings);
         store = laid;
-        writer = new Writer(heap, laid, values, body);
+        writer = new Writer(laid, finder);
         reader = new Reader();
-        expander = new Expander(heap, laid);
-        machine = new Machine(heap, values, variables, body);
+        expander = new Expander(room, laid);
+        machine = new Machine(laid, history, settings, finder);
     }
 
     // ---- data
 
     public int number(int numerator, int denominator) throws IllegalArgumentException, IllegalStateException {
-        if (!Store.fits(numerator, denominator)) {
+        long value = fraction(numerator, denominator);
+        if (value == 0) {
             throw new IllegalArgumentException("the denominator is 0, or the number is out of range");
         }
-        needRoomForOne();
-        store.makeRoom();
-        return needLaid(store.layNumber(numerator, denominator));
+        return needLaid(store.lay(value));
     }
 
     public int symbol(int symbol) throws IllegalArgumentException, IllegalStateException {
         needSymbol(symbol);
-        return needLaid(store.lay(FIRST_SYMBOL_CELL + symbol));
+        return needLaid(store.lay(symbolValue(symbol)));
     }
 
     public int truth(boolean isTrue) throws IllegalStateException {
-        return needLaid(store.lay(isTrue ? TRUE_CELL : FALSE_CELL));
+        return needLaid(store.lay(isTrue ? TRUE : FALSE));
     }
 
     public int empty() throws IllegalStateException {
-        return needLaid(store.lay(EMPTY_CELL));
+        return needLaid(store.lay(EMPTY));
     }
 
     public int pair(int first, int rest) throws IndexOutOfBoundsException, IllegalStateException {
         needDatum(first);
         needDatum(rest);
-        needRoomForOne();
-        store.makeRoom();
         return needLaid(store.layPair(first, rest));
     }
 
@@ -252,43 +183,48 @@ public final class WindwardScheme {
 
     public char kind(int datum) throws IndexOutOfBoundsException {
         needDatum(datum);
-        return store.letterOf(store.cellOf(datum));
+        return letterOf(store.valueOf(datum));
     }
 
     public int part(int datum, boolean isFirst) throws IndexOutOfBoundsException, UnsupportedOperationException {
         needDatum(datum);
-        if (kind(datum) != 'p') {
+        if (!store.isLaidPair(datum)) {
             throw new UnsupportedOperationException("no pair");
         }
-        return store.partOf(datum, isFirst);
+        return isFirst ? store.firstOf(datum) : store.restOf(datum);
     }
 
     public long amount(int datum) throws IndexOutOfBoundsException, UnsupportedOperationException {
-        char letter = kind(datum);
+        needDatum(datum);
+        long value = store.valueOf(datum);
+        char letter = letterOf(value);
         if (letter != 'n' && letter != 's' && letter != 't') {
             throw new UnsupportedOperationException("neither a number nor a name nor a truth");
         }
-        return store.amountOf(datum);
+        return letter == 'n' ? numeratorOf(value) : atomNumber(value);
     }
 
     public double asDouble(int datum) throws IndexOutOfBoundsException, UnsupportedOperationException {
-        if (kind(datum) != 'n') {
+        needDatum(datum);
+        long value = store.valueOf(datum);
+        long denominator = denominatorOf(value);
+        if (letterOf(value) != 'n' || denominator == 0) {
             throw new UnsupportedOperationException("no number");
         }
-        return store.quotientOf(datum);
+        return (double) numeratorOf(value) / (double) denominator;
     }
 
     public boolean areAlike(int datum, int other) throws IndexOutOfBoundsException {
         needDatum(datum);
         needDatum(other);
-        return store.areShapedAlike(store.cellOf(datum), store.cellOf(other));
+        return store.haveOneShape(datum, other, 0);
     }
 
     // ---- text
 
     public int write(int datum) throws IndexOutOfBoundsException, UnsupportedOperationException {
         needDatum(datum);
-        writer.start(false, store.cellOf(datum));
+        writer.start(false, store.valueOf(datum));
         writer.goOn();
         return needWritten(writer.finish());
     }
@@ -296,10 +232,11 @@ public final class WindwardScheme {
     public int writeExpanded(int datum)
             throws IndexOutOfBoundsException, IllegalArgumentException, UnsupportedOperationException {
         needDatum(datum);
-        if (!expander.expand(store.begunProgram(0, store.cellOf(datum)))) {
+        store.setProgram(0, datum);
+        if (!expander.expand(0, false)) {
             throw new IllegalArgumentException("the program is wrong");
         }
-        writer.start(true, store.slotOf(0));
+        writer.start(true, store.word(0, store.rootOf(0) + BODY_PLACE));
         writer.goOn();
         return needWritten(writer.finish());
     }
@@ -332,7 +269,6 @@ public final class WindwardScheme {
         if (reader.needed > MAX_DATA - store.count) {
             throw new IllegalStateException("there would be too many data");
         }
-        store.makeRoom();
         return needLaid(reader.layAll(store));
     }
 
@@ -341,10 +277,10 @@ public final class WindwardScheme {
     public char begin(int datum) throws IndexOutOfBoundsException {
         needDatum(datum);
         machine.stop();
-        int program = store.newProgram(store.cellOf(datum));
-        boolean isRight = program != 0 && expander.expand(program);
+        int program = store.newProgram(datum);
+        boolean isRight = program != 0 && expander.expand(program, true);
         machine.count(Machine.EXPANSIONS, program == 0 ? 0 : expander.used);
-        return machine.start(program, isRight ? store.slotOf(program) : 0, program == 0 ? 'o' : expander.letter);
+        return machine.start(isRight ? program : 0, program == 0 ? 'o' : expander.letter);
     }
 
     public char run(int fuel) throws IllegalStateException, IllegalArgumentException {
@@ -355,7 +291,7 @@ public final class WindwardScheme {
         machine.refuel(fuel);
         int wanted = machine.goOn();
         for (int i = 0; i < MAX_STEPS && wanted != 0; i++) {
-            machine.takeProgram(expander.expand(wanted));
+            machine.takeProgram(expander.expand(wanted, false));
             wanted = machine.goOn();
         }
         return machine.stateNow();
@@ -368,15 +304,15 @@ public final class WindwardScheme {
 
     public char valueKind() throws IllegalStateException, NoSuchElementException {
         needValue();
-        return store.letterOf(machine.result());
+        return letterOf(machine.result());
     }
 
     public long valueAmount() throws IllegalStateException, NoSuchElementException, UnsupportedOperationException {
         needValue();
-        if (store.letterOf(machine.result()) != 'n') {
+        if (letterOf(machine.result()) != 'n') {
             throw new UnsupportedOperationException("the value is no number");
         }
-        return store.firstFieldOf(machine.result());
+        return numeratorOf(machine.result());
     }
 
     public int writeValue() throws IllegalStateException, NoSuchElementException, UnsupportedOperationException {
@@ -384,7 +320,7 @@ public final class WindwardScheme {
         writer.start(false, machine.result());
         int wanted = writer.goOn();
         for (int i = 0; i < MAX_STEPS && wanted != 0; i++) {
-            writer.takeProgram(expander.expand(wanted));
+            writer.takeProgram(expander.expand(wanted, false));
             wanted = writer.goOn();
         }
         return needWritten(writer.finish());
@@ -411,14 +347,14 @@ public final class WindwardScheme {
     public int writeGlobal(int symbol)
             throws IllegalArgumentException, NoSuchElementException, UnsupportedOperationException {
         needSymbol(symbol);
-        int global = store.globalValue(symbol);
+        long global = store.globalValue(symbol);
         if (global == 0) {
             throw new NoSuchElementException("no global variable with a value");
         }
         writer.start(false, global);
         int wanted = writer.goOn();
         for (int i = 0; i < MAX_STEPS && wanted != 0; i++) {
-            writer.takeProgram(expander.expand(wanted));
+            writer.takeProgram(expander.expand(wanted, false));
             wanted = writer.goOn();
         }
         return needWritten(writer.finish());
@@ -489,12 +425,6 @@ public final class WindwardScheme {
         }
     }
 
-    private void needRoomForOne() {
-        if (store.count >= MAX_DATA) {
-            throw new IllegalStateException("there are too many data");
-        }
-    }
-
     private static int needLaid(int datum) {
         if (datum < 0) {
             throw new IllegalStateException("the datum cannot be laid");
@@ -528,790 +458,422 @@ public final class WindwardScheme {
         }
     }
 
-    /** A row of numbers, two in each word; outside of it there are zeros. Up to its most it grows when one is put behind it. */
-    private static final class Row {
-        private final int most;
-        private long[] words;
-        int used; // how many of them count, where others may lie behind them
+    // ---- rows, and what values tell by themselves
 
-        Row(int length, int most) {
-            this.most = most;
-            words = new long[length <= 0 ? 0 : length + 1 >> 1];
-            used = length;
-        }
+    private static int at(int[] row, int index) {
+        return index >= 0 && index < row.length ? row[index] : 0;
+    }
 
-        int get(int index) {
-            int place = index >> 1;
-            return index >= 0 && place < words.length ? (int) (words[place] >>> ((index & 1) << 5)) : 0;
-        }
-
-        void put(int index, int number) {
-            int place = index >> 1;
-            if (place >= words.length && index < most) {
-                long[] more = new long[Math.min(most + 1 >> 1, Math.max(place + 1, 4 * words.length))];
-                System.arraycopy(words, 0, more, 0, words.length);
-                words = more;
-            }
-            if (index >= 0 && place < words.length) {
-                boolean isLow = (index & 1) == 0;
-                long old = words[place];
-                words[place] = isLow ? old & ~LOW_WORD | number & LOW_WORD : old & LOW_WORD | (long) number << 32;
-            }
-        }
-
-        void add(int number) {
-            put(used, number);
-            used++;
-        }
-
-        void fillWithZeros() {
-            for (int i = 0; i < words.length; i++) {
-                words[i] = 0;
-            }
+    private static void put(int[] row, int index, int number) {
+        if (index >= 0 && index < row.length) {
+            row[index] = number;
         }
     }
 
-    /** Cells, each with a head and three fields. Those that no root reaches are found by collect() and used again. */
-    private static final class Heap {
-        private static final int MAX_ROOTS = 24;
-        private static final int MIN_DUE = 8192;
-        private static final int MAX_STACK = 8192;
-        // Few cells are known again in a small heap.
-        private static final int SHARED = 16384;
-        private static final int SHARED_SHIFT = 18;
-        private static final int FEW_SHARED_SHIFT = 22;
-        private static final int FEW_CHUNKS = 64;
-        // What was found is known for a while, in sets of a few entries each; more of them if much is forgotten.
-        private static final int WAYS = 4;
-        private static final int ENTRY = 4;
-        private static final int KNOWN_SHIFT = 18;
-        private static final int FEW_KNOWN_SHIFT = 24;
-        private static final int MOST_FORGOTTEN = 4; // times the number of entries
+    private static long wordAt(long[] row, int index) {
+        return index >= 0 && index < row.length ? row[index] : 0;
+    }
 
-        private final Row[] chunks;
-        private int chunkCount;
-        private final Row[] roots; // cells
-        private int rootCount;
-        private final Row shared;
-        private Row memo; // cell, place, and what was found there
-        private int knownShift;
-        private int forgotten; // of what was known, since there were so many entries
-        private int[] stack;
-        private int stacked;
-        private boolean isStackShort;
-        private int free;
-        int freeCells;
-        int pages;
-        int calls;
-        private int made;
-        private int due;
-        private int live;
-        int collections;
-
-        Heap() {
-            chunks = new Row[MAX_CHUNKS];
-            roots = new Row[MAX_ROOTS];
-            due = MIN_DUE;
-            shared = new Row(16, SHARED);
-            memo = new Row(0, 0);
-            knownShift = FEW_KNOWN_SHIFT;
-            addChunk();
+    private static void putWord(long[] row, int index, long word) {
+        if (index >= 0 && index < row.length) {
+            row[index] = word;
         }
+    }
 
-        /** A new row of cells that stay as long as they stand in it. */
-        Row newRoots(int length, int most) {
-            Row row = new Row(length, most);
-            if (rootCount < roots.length) {
-                roots[rootCount] = row;
-                rootCount++;
-            }
-            return row;
+    private static int tagOf(long value) {
+        return (int) value & VALUE_MASK;
+    }
+
+    private static long symbolValue(int symbol) {
+        return SYMBOL_ATOM | (long) symbol << ATOM_SHIFT;
+    }
+
+    private static long primitiveValue(int symbol) {
+        return PRIMITIVE_ATOM | (long) symbol << ATOM_SHIFT;
+    }
+
+    private static boolean isPrimitive(long value) {
+        return ((int) value & ATOM_MASK) == PRIMITIVE_ATOM;
+    }
+
+    private static int atomNumber(long value) {
+        return (int) (value >>> ATOM_SHIFT);
+    }
+
+    private static long numeratorOf(long value) {
+        return (value >>> VALUE_BITS & (1L << NUMERATOR_BITS) - 1) - HALF;
+    }
+
+    private static long denominatorOf(long value) {
+        return value >>> VALUE_BITS + NUMERATOR_BITS;
+    }
+
+    /** The greatest common divisor of two numbers that are not both 0. */
+    private static long commonDivisor(long one, long other) {
+        long a = one < 0 ? -one : one;
+        long b = other < 0 ? -other : other;
+        for (int i = 0; i < 200 && b != 0; i++) {
+            long remainder = a % b;
+            a = b;
+            b = remainder;
         }
+        return a == 0 ? 1 : a;
+    }
 
-        /** Lets so many cells be free, if that can be; whether a reserve is left besides. */
-        boolean makeRoom(int cells, int reserve) {
-            if (made >= due) {
-                collect();
-            }
-            addChunks(cells);
-            if (made > 0 && spareCells() < cells + reserve) {
-                collect();
-                addChunks(cells);
-            }
-            return spareCells() >= cells + reserve;
-        }
-
-        int cells() {
-            return chunkCount * CHUNK_CELLS;
-        }
-
-        private int mostChunks() {
-            return Math.min(MAX_CHUNKS, (MOST_WORDS - pages * PAGE_WORDS) / (2 * CHUNK_CELLS));
-        }
-
-        /** How many pages there may be, so that there is room for the cells that may still be needed. */
-        int mostPages() {
-            int words = Math.max(0, MAX_CALLS - calls) * WORDS_OF_CALL + chunkCount * 2 * CHUNK_CELLS;
-            return (MOST_WORDS - words) / PAGE_WORDS;
-        }
-
-        private int spareCells() {
-            return freeCells + Math.max(0, mostChunks() - chunkCount) * CHUNK_CELLS;
-        }
-
-        private void addChunks(int cells) {
-            int most = mostChunks();
-            for (int i = 0; i < MAX_CHUNKS && freeCells < cells && chunkCount < most; i++) {
-                addChunk();
-            }
-        }
-
-        private void addChunk() {
-            if (chunkCount >= chunks.length) {
-                return;
-            }
-            chunks[chunkCount] = new Row(4 * CHUNK_CELLS, 0);
-            int first = Math.max(1, chunkCount * CHUNK_CELLS);
-            chunkCount++;
-            for (int cell = chunkCount * CHUNK_CELLS - 1; cell >= first; cell--) {
-                put(cell, ITEM, free);
-                free = cell;
-                freeCells++;
-            }
-        }
-
-        /** A new cell; 0 if none is free. */
-        int make(int cellKind, int note, int one, int two, int three) {
-            int cell = free;
-            int place = cell >> CHUNK_BITS;
-            int index = (cell & CHUNK_CELLS - 1) << 1;
-            if (cell <= 0 || place >= chunks.length || chunks[place] == null || index + 1 >= chunks[place].words.length) {
-                return 0;
-            }
-            long[] words = chunks[place].words;
-            free = (int) (words[index] >>> 32);
-            words[index] = (cellKind | note << NOTE_SHIFT) & LOW_WORD | (long) one << 32;
-            words[index + 1] = two & LOW_WORD | (long) three << 32;
-            freeCells--;
-            made++;
-            return cell;
-        }
-
-        /** Lets a cell be another one from now on. */
-        void remake(int cell, int cellKind, int note, int one, int two) {
-            put(cell, HEAD, at(cell, HEAD) & (MARKED | KEPT | GRAY) | cellKind | note << NOTE_SHIFT);
-            put(cell, ITEM, one);
-            put(cell, NEXT, two);
-        }
-
-        /** A cell that is never changed: one like it that was made before, if that is still known. */
-        int makeShared(int cellKind, int note, int one, int two, int three) {
-            int hash = ((((cellKind * 31 + note) * 31 + one) * 31 + two) * 31 + three) * 0x9E3779B1;
-            int place = hash >>> (chunkCount < FEW_CHUNKS ? FEW_SHARED_SHIFT : SHARED_SHIFT);
-            int cell = shared.get(place);
-            if (cell != 0
-                    && (at(cell, HEAD) & ~(MARKED | KEPT | GRAY)) == (cellKind | note << NOTE_SHIFT)
-                    && at(cell, 1) == one
-                    && at(cell, 2) == two
-                    && at(cell, 3) == three) {
-                return cell;
-            }
-            cell = make(cellKind, note, one, two, three);
-            shared.put(place, cell);
-            return cell;
-        }
-
-        /** What was found for a cell and a place; 0 if that is not known, or not any more. */
-        int known(int cell, int place) {
-            int first = ((cell * 0x9E3779B1 + place * 0x7FEB352D) * 0x85EBCA6B >>> knownShift) * WAYS * ENTRY >> 1;
-            long key = cell & LOW_WORD | (long) place << 32;
-            long[] words = memo.words;
-            for (int i = first; i < first + WAYS * ENTRY / 2 && i + 1 < words.length; i += ENTRY / 2) {
-                if (words[i] == key) {
-                    return (int) words[i + 1];
-                }
-            }
+    /** A number in lowest terms; 0 if there is none or it is out of range. */
+    private static long fraction(long numerator, long denominator) {
+        if (denominator == 0) {
             return 0;
         }
+        long divisor = commonDivisor(numerator, denominator);
+        long signed = denominator < 0 ? -divisor : divisor;
+        if (signed == 0) {
+            return 0;
+        }
+        long top = numerator / signed;
+        long bottom = denominator / signed;
+        if (top < -MAX_AMOUNT || top > MAX_AMOUNT || bottom > MAX_AMOUNT) {
+            return 0;
+        }
+        return NUMBER | top + HALF << VALUE_BITS | bottom << VALUE_BITS + NUMERATOR_BITS;
+    }
 
-        /** Keeps what was found for a cell and a place, ahead of what has been known for longer. */
-        void know(int cell, int place, int value) {
-            long[] words = memo.words;
-            int first = ((cell * 0x9E3779B1 + place * 0x7FEB352D) * 0x85EBCA6B >>> knownShift) * WAYS * ENTRY >> 1;
-            int last = first + (WAYS - 1) * ENTRY / 2;
-            if (first < 0 || last + 1 >= words.length) {
-                forgotten++;
-                return;
-            }
-            long key = cell & LOW_WORD | (long) place << 32;
-            for (int i = last; i >= first; i -= 2) {
-                last = words[i] == key ? i : last;
-            }
-            forgotten += words[last] == key || words[last] == 0 ? 0 : 1;
-            for (int i = last; i > first; i -= 2) {
-                words[i] = words[i - 2];
-                words[i + 1] = words[i - 1];
-            }
-            words[first] = key;
-            words[first + 1] = value & LOW_WORD;
+    private static boolean isInLowestTerms(long value) {
+        long numerator = numeratorOf(value);
+        long denominator = denominatorOf(value);
+        return denominator >= 1
+                && denominator <= MAX_AMOUNT
+                && numerator >= -MAX_AMOUNT
+                && numerator <= MAX_AMOUNT
+                && commonDivisor(numerator, denominator) == 1;
+    }
+
+    private static boolean isPairValue(long value) {
+        int tag = tagOf(value);
+        return tag == PAIR || tag == VIEW || tag == QUOTED;
+    }
+
+    private static char letterOf(long value) {
+        switch (tagOf(value)) {
+            case NUMBER:
+                return 'n';
+            case PAIR:
+            case VIEW:
+            case QUOTED:
+                return 'p';
+            case CLOSURE:
+                return 'c';
+            case CONTINUATION:
+                return 'k';
+            default:
+                return letterOfAtom(value);
+        }
+    }
+
+    private static char letterOfAtom(long value) {
+        switch ((int) value & ATOM_MASK) {
+            case SYMBOL_ATOM:
+                return 's';
+            case TRUTH_ATOM:
+                return 't';
+            case PRIMITIVE_ATOM:
+                return 'f';
+            default:
+                return value == EMPTY ? 'e' : 'u';
+        }
+    }
+
+    /** Words in blocks that come from a common room and go back to it; outside of them there are zeros. */
+    private static final class Area {
+        private final Area room; // that gives the blocks; the room itself has none, and holds those that are free
+        private final int most;
+        private long[][] blocks;
+        private int count;
+        private int made; // by the room
+
+        Area(Area room, int most) {
+            this.room = room;
+            this.most = most;
+            blocks = new long[4][];
         }
 
-        /** Lets more be known, if much is forgotten. */
-        void growKnown() {
-            int entries = memo.words.length / (ENTRY / 2);
-            if (forgotten <= MOST_FORGOTTEN * entries || entries > 0 && knownShift <= KNOWN_SHIFT) {
-                return;
-            }
-            Row before = memo;
-            knownShift = entries == 0 ? FEW_KNOWN_SHIFT : knownShift - 2;
-            memo = new Row(WAYS * ENTRY << 32 - knownShift, 0);
-            for (int i = 2 * before.words.length - ENTRY; i >= 0; i -= ENTRY) {
-                know(before.get(i), before.get(i + 1), before.get(i + 2));
-            }
-            forgotten = 0;
-        }
-
-        int at(int cell, int field) {
-            int place = cell >> CHUNK_BITS;
-            if (place < 0 || place >= chunks.length || chunks[place] == null) {
+        long get(int index) {
+            int place = index >> BLOCK_BITS;
+            if (place < 0 || place >= blocks.length) {
                 return 0;
             }
-            long[] words = chunks[place].words;
-            int index = ((cell & CHUNK_CELLS - 1) << 1) + (field >> 1);
-            return index >= 0 && index < words.length ? (int) (words[index] >>> ((field & 1) << 5)) : 0;
+            long[] block = blocks[place];
+            int inside = index & BLOCK_MASK;
+            return block == null || inside >= block.length ? 0 : block[inside];
         }
 
-        void put(int cell, int field, int word) {
-            int place = cell >> CHUNK_BITS;
-            int index = ((cell & CHUNK_CELLS - 1) << 1) + (field >> 1);
-            if (cell <= 0 || place >= chunks.length || chunks[place] == null || index >= chunks[place].words.length) {
+        void put(int index, long word) {
+            int place = index >> BLOCK_BITS;
+            if (place < 0 || place >= blocks.length) {
                 return;
             }
-            long[] words = chunks[place].words;
-            if (index >= 0) {
-                boolean isLow = (field & 1) == 0;
-                long old = words[index];
-                words[index] = isLow ? old & ~LOW_WORD | word & LOW_WORD : old & LOW_WORD | (long) word << 32;
+            long[] block = blocks[place];
+            int inside = index & BLOCK_MASK;
+            if (block != null && inside < block.length) {
+                block[inside] = word;
             }
         }
 
-        int kindOf(int cell) {
-            int place = cell >> CHUNK_BITS;
-            int index = (cell & CHUNK_CELLS - 1) << 1;
-            boolean isThere = place >= 0 && place < chunks.length && chunks[place] != null;
-            return isThere && index < chunks[place].words.length ? (int) chunks[place].words[index] & KIND_MASK : FREE;
+        int words() {
+            return count << BLOCK_BITS;
         }
 
-        int noteOf(int cell) {
-            int place = cell >> CHUNK_BITS;
-            int index = (cell & CHUNK_CELLS - 1) << 1;
-            boolean isThere = place >= 0 && place < chunks.length && chunks[place] != null;
-            return isThere && index < chunks[place].words.length ? (int) chunks[place].words[index] >>> NOTE_SHIFT : 0;
+        int countOfBlocks() {
+            return count;
         }
 
-        void setNote(int cell, int note) {
-            put(cell, HEAD, at(cell, HEAD) & (1 << NOTE_SHIFT) - 1 | note << NOTE_SHIFT);
+        /** How many blocks the room can still give. */
+        int spare() {
+            return count + most - made;
         }
 
-        /** Gives a cell back that nothing reaches any more. */
-        void release(int cell) {
-            put(cell, HEAD, FREE);
-            put(cell, ITEM, free);
-            free = cell;
-            freeCells++;
-        }
-
-        /** Lets a cell stay for ever; all that it reaches must stay, too. */
-        void keep(int cell) {
-            put(cell, HEAD, at(cell, HEAD) | KEPT);
-        }
-
-        /**
-         * Whether the primitive 21 holds. Numbers are the same by what they are; closures and lists may be made again
-         * whenever they are looked for, so these are known by all that they are, too.
-         */
-        boolean areSame(int one, int other) {
-            if (one == other) {
-                return true;
-            }
-            int cellKind = kindOf(one);
-            boolean isMadeAgain = cellKind == NUMBER || cellKind == CLOSURE || cellKind == VIEW || cellKind == QUOTED;
-            return isMadeAgain
-                    && kindOf(other) == cellKind
-                    && at(one, 1) == at(other, 1)
-                    && at(one, 2) == at(other, 2)
-                    && at(one, 3) == at(other, 3);
-        }
-
-        private void collect() {
-            stacked = 0;
-            isStackShort = false;
-            stack = stack == null ? new int[MAX_STACK] : stack;
-            for (int i = 0; i < rootCount && i < roots.length; i++) {
-                for (int j = 0; roots[i] != null && j < roots[i].used; j++) {
-                    shade(roots[i].get(j));
+        /** Lets there be so many words; whether there are. */
+        boolean reach(int words) {
+            for (int i = count; i < most && count << BLOCK_BITS < words; i++) {
+                long[] block = room == null ? null : room.taken();
+                if (block == null) {
+                    return false;
                 }
-                scanStacked();
+                add(block);
             }
-            scanGray();
-            scanKnown();
-            scanStacked();
-            scanGray();
-            forgetUnmarked();
-            sweep();
-            made = 0;
-            due = Math.max(MIN_DUE, live / 2);
-            collections++;
+            return count << BLOCK_BITS >= words;
         }
 
-        /** Marks a cell, and puts it on the stack, so that what it reaches is marked, too. */
-        private void shade(int cell) {
-            int place = cell >> CHUNK_BITS;
-            int index = (cell & CHUNK_CELLS - 1) << 1;
-            if (cell <= 0 || place >= chunks.length || chunks[place] == null || index >= chunks[place].words.length) {
-                return;
+        /** Gives all blocks back. */
+        void release() {
+            for (int i = 0; i < count && i < blocks.length && room != null; i++) {
+                room.add(blocks[i]);
+                blocks[i] = null;
             }
-            long[] words = chunks[place].words;
-            int head = (int) words[index];
-            if ((head & (MARKED | KEPT)) != 0 || (head & KIND_MASK) == FREE) {
-                return;
+            count = 0;
+        }
+
+        private void add(long[] block) {
+            if (count >= blocks.length) {
+                long[][] more = new long[4 * count][];
+                for (int i = 0; i < blocks.length; i++) {
+                    more[i] = blocks[i];
+                }
+                blocks = more;
             }
-            boolean hasPlace = stack != null && stacked >= 0 && stacked < stack.length;
-            words[index] |= hasPlace ? MARKED : MARKED | GRAY;
-            if (hasPlace) {
-                stack[stacked] = cell;
-                stacked++;
-            } else {
-                isStackShort = true;
+            if (count >= 0 && count < blocks.length) {
+                blocks[count] = block;
+                count++;
             }
         }
 
-        private void scanStacked() {
-            for (int i = 0; i < MAX_STEPS && stack != null && stacked > 0 && stacked <= stack.length; i++) {
-                stacked--;
-                int cell = stack[stacked];
-                int head = at(cell, HEAD);
-                int cellKind = head & KIND_MASK;
-                int fields = cellKind < REFERENCES.length ? REFERENCES[cellKind] : 0;
-                // The next one of a row is taken from the stack behind the others: so a long row needs little of it.
-                if ((fields & 8) != 0) {
-                    shade(head >>> NOTE_SHIFT);
+        /** A block with zeros; null if there is none left. */
+        private long[] taken() {
+            if (count > 0 && count <= blocks.length) {
+                count--;
+                long[] block = blocks[count];
+                blocks[count] = null;
+                for (int i = 0; block != null && i < block.length; i++) {
+                    block[i] = 0;
                 }
-                for (int j = 0; j < 3; j++) {
-                    int field = j == 0 ? 2 : j == 1 ? 1 : 3;
-                    if ((fields & 1 << field - 1) != 0) {
-                        shade(at(cell, field));
-                    }
-                }
+                return block;
             }
-        }
-
-        /** Scans the cells for which there was no place on the stack. */
-        private void scanGray() {
-            for (int i = 0; i < MAX_CELLS && isStackShort; i++) {
-                isStackShort = false;
-                for (int cell = 1; cell < chunkCount * CHUNK_CELLS; cell++) {
-                    if ((at(cell, HEAD) & GRAY) != 0 && stack != null && stack.length > 0) {
-                        put(cell, HEAD, at(cell, HEAD) & ~GRAY);
-                        stack[0] = cell;
-                        stacked = 1;
-                        scanStacked();
-                    }
-                }
+            if (made >= most) {
+                return null;
             }
-        }
-
-        /** Marks what was found for cells that are marked. */
-        private void scanKnown() {
-            for (int i = 0; i < 2 * memo.words.length; i += ENTRY) {
-                if ((at(memo.get(i), HEAD) & MARKED) != 0) {
-                    shade(memo.get(i + 2));
-                }
-            }
-        }
-
-        private void forgetUnmarked() {
-            for (int i = 0; i < 2 * shared.words.length; i++) {
-                if (isUnmarked(shared.get(i))) {
-                    shared.put(i, 0);
-                }
-            }
-            for (int i = 0; i < 2 * memo.words.length; i += ENTRY) {
-                if (isUnmarked(memo.get(i)) || isUnmarked(memo.get(i + 2))) {
-                    memo.put(i, 0);
-                    memo.put(i + 1, 0);
-                }
-            }
-        }
-
-        private boolean isUnmarked(int cell) {
-            return (at(cell, HEAD) & (MARKED | KEPT)) == 0;
-        }
-
-        private void sweep() {
-            live = 0;
-            free = 0;
-            freeCells = 0;
-            for (int cell = chunkCount * CHUNK_CELLS - 1; cell > 0; cell--) {
-                int head = at(cell, HEAD);
-                if ((head & (MARKED | KEPT)) != 0) {
-                    put(cell, HEAD, head & ~MARKED);
-                    live++;
-                } else {
-                    put(cell, HEAD, FREE);
-                    put(cell, ITEM, free);
-                    free = cell;
-                    freeCells++;
-                }
-            }
+            made++;
+            return new long[BLOCK_WORDS];
         }
     }
 
     /**
-     * The laid data, what data are to one another, the global variables and macros, and the code of programs.
+     * The laid data, the global variables and macros, and the code of programs.
      *
      * <p>Of a program only its datum is kept, and what symbols meant when it was begun: its code, and the data that macros
-     * made in it, are an image, which is made anew when it is wanted and was given up for others. A place in an image is
-     * an offset; slots, each list of them with a 0 behind it, and nodes are what code is made of; a pair is two numbers,
-     * each of them twice a cell, or twice the offset of another pair and 1. Program 0 is one that is only written.
+     * made in it, are an image, which is made anew when it is wanted and was given up for others. An offset is a place in an
+     * image; slots, each list of them with a 0 behind it, and nodes are what code is made of. A datum in an image is four
+     * times the number of a laid one, or four times a symbol and 1, or four times the offset of a pair and 2; a pair is two
+     * of these. Program 0 is one that is only written.
      */
     private static final class Store {
-        private static final int MAX_PROGRAMS = 1000;
-        private static final int MAX_PAGES = 24000;
-        private static final int MIN_PAGES = 2400;
-        private static final int PAGE_NUMBERS = 2 * PAGE_WORDS;
-        private static final int PAGE_BITS = 9;
-        private static final int PAGE_MASK = 511;
-        private static final int MEANING_SHIFT = 6;
-        private static final int FEW = 8;
-        private static final int FEW_PAGES = 64;
+        static final int DATUM_BITS = 2;
+        static final int SYMBOL_DATUM = 1;
+        static final int PAIR_DATUM = 2;
+        private static final int MAX_CHANGES = 100000;
+        private static final int MOST_OF_IMAGE = 4096; // blocks
+        private static final int FEW_BLOCKS = 600;
+        private static final int DEPTH_SHIFT = 12;
+        private static final int SIZE_MASK = 4095;
+        private static final int MEASURE_OF_ONE = 1 << DEPTH_SHIFT | 1;
 
-        private final Heap heap;
-        private final int[] cells;
+        private final Area room;
+        private final long[] values;
         private final int[] firsts;
         private final int[] rests;
+        private final int[] measures;
         int count;
         private final int[] meanings;
-        private final Row contents; // values of global variables, literals and rules of macros
-        // What symbols mean that may be a keyword or macro: the newest one of a chain; and the rules in the newest program.
-        private final Row newest;
+        private final long[] contents;
+        // What symbols came to be that are or were a keyword or macro: symbol, meaning, rules.
+        private final Area changes;
+        private int changeCount;
         private int programs;
-        private final Row programData;
-        private final Row programMeanings;
-        private final Row programSlots;
-        private Row[] tables; // for each program the pages of its image, as many as are used
-        private Row[] pages;
-        private int pageCount;
-        private final Row freePages;
+        private final int[] programData;
+        private final int[] programChanges;
+        private final int[] roots; // where the lambda is in the image that has the program as its body
+        private final int[] ends; // of images; 0 if there is none
+        private final Area[] images;
+        private int mostOfImages; // blocks that are held if there is no need of more
         private int open; // the program whose image is made
-        private int end;
-        private int mostPages; // that are held if there is no need of more
+        private int newRules; // of the macro that the newest program defines
 
-        Store(Heap heap) {
-            this.heap = heap;
-            newest = heap.newRoots(2, 2);
-            programData = new Row(16, MAX_PROGRAMS);
-            programMeanings = heap.newRoots(16, MAX_PROGRAMS);
-            programSlots = new Row(16, MAX_PROGRAMS);
-            tables = new Row[FEW];
-            pages = new Row[FEW];
-            freePages = new Row(16, MAX_PAGES);
-            freePages.used = 0;
-            mostPages = FEW_PAGES;
-            cells = new int[MAX_DATA];
+        Store(Area room) {
+            this.room = room;
+            values = new long[MAX_DATA];
             firsts = new int[MAX_DATA];
             rests = new int[MAX_DATA];
+            measures = new int[MAX_DATA];
             meanings = new int[SYMBOLS];
-            contents = heap.newRoots(SYMBOLS, SYMBOLS);
-            for (int symbol = 0; symbol < SYMBOLS; symbol++) {
-                heap.keep(heap.make(SYMBOL, 0, symbol, 0, 0));
-            }
-            heap.keep(heap.make(TRUTH, 0, 0, 0, 0));
-            heap.keep(heap.make(TRUTH, 0, 1, 0, 0));
-            heap.keep(heap.make(EMPTY, 0, 0, 0, 0));
-            heap.keep(heap.make(NOTHING, 0, 0, 0, 0));
-            for (int symbol = FIRST_PRIMITIVE; symbol <= LAST_PRIMITIVE; symbol++) {
-                heap.keep(heap.make(PRIMITIVE, 0, symbol, 0, 0));
-            }
-            for (int symbol = FIRST_PRIMITIVE; symbol <= LAST_PRIMITIVE; symbol++) {
-                define(symbol, VARIABLE, PRIMITIVE_CELLS + symbol);
-            }
+            contents = new long[SYMBOLS];
+            changes = new Area(room, MOST_OF_IMAGE);
+            programData = new int[MAX_PROGRAMS];
+            programChanges = new int[MAX_PROGRAMS];
+            roots = new int[MAX_PROGRAMS];
+            ends = new int[MAX_PROGRAMS];
+            images = new Area[MAX_PROGRAMS];
+            open = -1;
+            mostOfImages = FEW_BLOCKS;
             for (int symbol = QUOTE_SYMBOL; symbol <= SYNTAX_SYMBOL; symbol++) {
                 meanings[symbol] = KEYWORD;
             }
+            for (int symbol = FIRST_PRIMITIVE; symbol <= LAST_PRIMITIVE; symbol++) {
+                meanings[symbol] = VARIABLE;
+                contents[symbol] = primitiveValue(symbol);
+            }
         }
+
+        // ---- data
 
         boolean has(int datum) {
             return datum >= 0 && datum < count;
         }
 
-        int cellOf(int datum) {
-            return has(datum) && datum < cells.length ? cells[datum] : 0;
+        long valueOf(int datum) {
+            return datum >= 0 && datum < values.length ? values[datum] : 0;
         }
 
-        /** Lets there be room for the cells of a datum. */
-        void makeRoom() {
-            if (heap.freeCells < CHUNK_CELLS) {
-                heap.makeRoom(CHUNK_CELLS, 0);
-            }
+        boolean isLaidPair(int datum) {
+            return datum >= 0 && datum < values.length && (values[datum] & VALUE_MASK) == PAIR;
         }
 
-        /** The number of a new number; -1 if there is none left. */
-        int layNumber(long numerator, long denominator) {
-            return lay(fraction(heap, numerator, denominator));
+        int firstOf(int datum) {
+            return datum >= 0 && datum < firsts.length ? firsts[datum] : -1;
         }
 
-        /** Gives a cell that is no pair the next number; -1 if there is none left. */
-        int lay(int cell) {
-            return layParts(cell, -1, -1);
+        int restOf(int datum) {
+            return datum >= 0 && datum < rests.length ? rests[datum] : -1;
+        }
+
+        int sizeOf(int datum) {
+            return at(measures, datum) & SIZE_MASK;
+        }
+
+        /** Gives a value that is no pair the next number; -1 if there is none left. */
+        int lay(long value) {
+            return layParts(value, MEASURE_OF_ONE, -1, -1);
         }
 
         /** The number of a new pair; -1 if it would be too many, too deep or too large. */
         int layPair(int first, int rest) {
-            int cell = count < MAX_DATA ? pairOf(cellOf(first), cellOf(rest), MAX_LAID_DEPTH) : 0;
-            return layParts(cell, first, rest);
+            int one = at(measures, first);
+            int other = at(measures, rest);
+            int size = (one & SIZE_MASK) + (other & SIZE_MASK) + 1;
+            int depth = Math.max((one >> DEPTH_SHIFT) + 1, other >> DEPTH_SHIFT);
+            boolean isRight = size <= MAX_SIZE && depth <= MAX_LAID_DEPTH;
+            long value = PAIR | (LAID | count) << VALUE_BITS;
+            return isRight ? layParts(value, depth << DEPTH_SHIFT | size, first, rest) : -1;
         }
 
-        private int layParts(int cell, int first, int rest) {
-            if (cell == 0 || count < 0 || count >= MAX_DATA) {
+        private int layParts(long value, int measure, int first, int rest) {
+            if (count < 0 || count >= MAX_DATA) {
                 return -1;
             }
-            heap.keep(cell);
-            heap.calls++;
-            cells[count] = cell;
-            firsts[count] = first;
-            rests[count] = rest;
+            putWord(values, count, value);
+            put(measures, count, measure);
+            put(firsts, count, first);
+            put(rests, count, rest);
             count++;
             return count - 1;
         }
 
-        int partOf(int datum, boolean isFirst) {
-            if (!has(datum) || datum >= MAX_DATA) {
-                return -1;
-            }
-            return isFirst ? firsts[datum] : rests[datum];
-        }
-
-        long amountOf(int datum) {
-            return heap.at(cellOf(datum), AMOUNT);
-        }
-
-        int firstFieldOf(int cell) {
-            return heap.at(cell, AMOUNT);
-        }
-
-        double quotientOf(int datum) {
-            int denominator = heap.at(cellOf(datum), DENOMINATOR);
-            return denominator == 0 ? 0.0 : (double) heap.at(cellOf(datum), AMOUNT) / (double) denominator;
-        }
-
-        char letterOf(int cell) {
-            switch (heap.kindOf(cell)) {
-                case NUMBER:
-                    return 'n';
-                case SYMBOL:
-                case RENAMED:
-                    return 's';
-                case TRUTH:
-                    return 't';
-                case EMPTY:
-                    return 'e';
-                case PAIR:
-                case VIEW:
-                case QUOTED:
-                    return 'p';
-                case CLOSURE:
-                    return 'c';
-                case PRIMITIVE:
-                    return 'f';
-                case CONTINUATION:
-                    return 'k';
-                default:
-                    return 'u';
-            }
-        }
-
         boolean areDataSound() {
-            for (int datum = 0; datum < count && datum < MAX_DATA; datum++) {
-                int cell = cells[datum];
-                int cellKind = heap.kindOf(cell);
-                if (cellKind == NUMBER && !isInLowestTerms(heap.at(cell, AMOUNT), heap.at(cell, DENOMINATOR))) {
+            for (int datum = 0; datum < count; datum++) {
+                long value = valueOf(datum);
+                if (tagOf(value) == NUMBER && !isInLowestTerms(value)) {
                     return false;
                 }
-                if (cellKind == PAIR && !arePartsLower(datum)) {
+                boolean areLower = firstOf(datum) < datum && restOf(datum) < datum;
+                if (tagOf(value) == PAIR && (!areLower || firstOf(datum) < 0 || restOf(datum) < 0)) {
                     return false;
                 }
             }
             return true;
         }
 
-        private boolean arePartsLower(int datum) {
-            int first = partOf(datum, true);
-            int rest = partOf(datum, false);
-            return first >= 0 && first < datum && rest >= 0 && rest < datum;
-        }
-
-        private static boolean isInLowestTerms(int numerator, int denominator) {
-            return denominator >= 1
-                    && denominator <= MAX_AMOUNT
-                    && numerator >= -MAX_AMOUNT
-                    && numerator <= MAX_AMOUNT
-                    && commonDivisor(numerator, denominator) == 1;
-        }
-
-        /** The greatest common divisor of two numbers that are not both 0. */
-        private static long commonDivisor(long one, long other) {
-            long a = one < 0 ? -one : one;
-            long b = other < 0 ? -other : other;
-            for (int i = 0; i < 200 && b != 0; i++) {
-                long remainder = a % b;
-                a = b;
-                b = remainder;
-            }
-            return a == 0 ? 1 : a;
-        }
-
-        /** Whether there is such a number, in lowest terms, and it is in range. */
-        static boolean fits(long numerator, long denominator) {
-            if (denominator == 0) {
-                return false;
-            }
-            long divisor = commonDivisor(numerator, denominator);
-            long top = numerator / divisor;
-            long bottom = denominator / divisor;
-            return top >= -MAX_AMOUNT && top <= MAX_AMOUNT && bottom >= -MAX_AMOUNT && bottom <= MAX_AMOUNT;
-        }
-
-        /** A new number in lowest terms; 0 if there is none or it is out of range. */
-        static int fraction(Heap heap, long numerator, long denominator) {
-            if (denominator == 0) {
-                return 0;
-            }
-            long divisor = commonDivisor(numerator, denominator);
-            long signed = denominator < 0 ? -divisor : divisor;
-            long top = numerator / signed;
-            long bottom = denominator / signed;
-            if (top < -MAX_AMOUNT || top > MAX_AMOUNT || bottom > MAX_AMOUNT) {
-                return 0;
-            }
-            return heap.make(NUMBER, 0, (int) top, (int) bottom, 0);
-        }
-
-        int measureOf(int cell) {
-            switch (heap.kindOf(cell)) {
-                case PAIR:
-                    return heap.at(cell, MEASURE);
-                case RENAMED:
-                    return MEASURE_OF_ONE | RENAMED_INSIDE;
-                default:
-                    return MEASURE_OF_ONE;
-            }
-        }
-
-        /** A new pair with its measure; 0 if it would be too deep or too large. */
-        int pairOf(int first, int rest, int deepest) {
-            int one = measureOf(first);
-            int other = measureOf(rest);
-            int size = (one & SIZE_MASK) + (other & SIZE_MASK) + 1;
-            int depth = Math.max((one >> DEPTH_SHIFT & DEPTH_MASK) + 1, other >> DEPTH_SHIFT & DEPTH_MASK);
-            if (size > MAX_SIZE || depth > deepest) {
-                return 0;
-            }
-            return heap.make(PAIR, 0, first, rest, (one | other) & RENAMED_INSIDE | depth << DEPTH_SHIFT | size);
-        }
-
-        boolean isName(int cell) {
-            int cellKind = heap.kindOf(cell);
-            return cellKind == SYMBOL || cellKind == RENAMED;
-        }
-
-        /** The symbol of a name; -1 if it is none. */
-        int symbolOf(int cell) {
-            int name = cell;
-            for (int i = 0; i < MAX_CELLS && heap.kindOf(name) == RENAMED; i++) {
-                name = heap.at(name, UNDER);
-            }
-            return heap.kindOf(name) == SYMBOL ? heap.at(name, AMOUNT) : -1;
-        }
-
-        /** Whether two names are the same: one symbol, or the same mark on the same name. */
-        boolean areSameNames(int name, int other) {
-            int a = name;
+        /** Whether two data are shaped alike: lists by their parts, other data by what they are. */
+        boolean haveOneShape(int datum, int other, int level) {
+            int a = datum;
             int b = other;
-            for (int i = 0;
-                    i < MAX_CELLS
-                            && a != b
-                            && heap.kindOf(a) == RENAMED
-                            && heap.kindOf(b) == RENAMED
-                            && heap.at(a, MARK) == heap.at(b, MARK);
-                    i++) {
-                a = heap.at(a, UNDER);
-                b = heap.at(b, UNDER);
-            }
-            return a == b;
-        }
-
-        /** The first cell of a row whose item is the same name as this one; 0 if there is none. */
-        int find(int name, int row) {
-            int cell = row;
-            for (int i = 0; i < MAX_CELLS && cell != 0; i++) {
-                if (areSameNames(heap.at(cell, ITEM), name)) {
-                    return cell;
-                }
-                cell = heap.at(cell, NEXT);
-            }
-            return 0;
-        }
-
-        /** The number of parts of a list; -1 if it does not end with the empty list. */
-        int lengthOf(int list) {
-            int length = 0;
-            int cell = list;
-            for (int i = 0; i < MAX_CELLS && heap.kindOf(cell) == PAIR; i++) {
-                cell = heap.at(cell, REST);
-                length++;
-            }
-            return heap.kindOf(cell) == EMPTY ? length : -1;
-        }
-
-        boolean areShapedAlike(int cell, int other) {
-            return haveOneShape(cell, other, 0);
-        }
-
-        private boolean haveOneShape(int cell, int other, int level) {
-            int a = cell;
-            int b = other;
-            for (int i = 0; i < MAX_SIZE && heap.kindOf(a) == PAIR && heap.kindOf(b) == PAIR; i++) {
-                boolean areFirstsAlike =
-                        level < MAX_LEVEL && haveOneShape(heap.at(a, FIRST), heap.at(b, FIRST), level + 1);
-                if (!areFirstsAlike) {
+            for (int i = 0; i < MAX_SIZE && isLaidPair(a) && isLaidPair(b); i++) {
+                if (level >= MAX_LEVEL || !haveOneShape(firstOf(a), firstOf(b), level + 1)) {
                     return false;
                 }
-                a = heap.at(a, REST);
-                b = heap.at(b, REST);
+                a = restOf(a);
+                b = restOf(b);
             }
-            return heap.areSame(a, b);
+            return valueOf(a) == valueOf(b);
         }
 
+        // ---- symbols
+
         int meaningOf(int symbol) {
-            return symbol >= 0 && symbol < meanings.length ? meanings[symbol] : UNKNOWN;
+            return at(meanings, symbol);
         }
 
         /** The value of a global variable; 0 if there is none. */
-        int globalValue(int symbol) {
-            return meaningOf(symbol) == VARIABLE ? contents.get(symbol) : 0;
+        long globalValue(int symbol) {
+            return wordAt(contents, symbol);
         }
 
-        void define(int symbol, int newMeaning, int content) {
-            if (symbol < 0 || symbol >= meanings.length) {
-                return;
+        /** Lets a symbol be a variable with a value, or a macro with the rules that the newest program has for it. */
+        void define(int symbol, int newMeaning, long content) {
+            int before = meaningOf(symbol);
+            if (newMeaning == MACRO || before == MACRO || before == KEYWORD) {
+                changes.reach(changeCount + 1);
+                changes.put(changeCount, symbol | newMeaning << 8 | (long) (newMeaning == MACRO ? newRules : 0) << 16);
+                changeCount += changeCount < MAX_CHANGES ? 1 : 0;
             }
-            if (newMeaning == MACRO || meanings[symbol] == MACRO || meanings[symbol] == KEYWORD) {
-                int rules = newMeaning == MACRO ? content : 0;
-                newest.put(0, heap.make(MEANING, newMeaning << MEANING_SHIFT | symbol, rules, newest.get(0), 0));
+            put(meanings, symbol, newMeaning);
+            putWord(contents, symbol, newMeaning == VARIABLE ? content : 0);
+        }
+
+        void setNewRules(int rules) {
+            newRules = rules;
+        }
+
+        /** Lets rows be what symbols meant when a program began, and the rules of macros then. */
+        void recallMeanings(int program, int[] meaningsThen, int[] rulesThen) {
+            for (int symbol = 0; symbol < SYMBOLS; symbol++) {
+                put(meaningsThen, symbol, symbol <= SYNTAX_SYMBOL ? KEYWORD : UNKNOWN);
+                put(rulesThen, symbol, 0);
             }
-            meanings[symbol] = newMeaning;
-            contents.put(symbol, content);
+            int known = at(programChanges, program);
+            for (int i = 0; i < known; i++) {
+                long change = changes.get(i);
+                int symbol = (int) change & 255;
+                put(meaningsThen, symbol, (int) (change >>> 8) & 255);
+                put(rulesThen, symbol, (int) (change >>> 16));
+            }
         }
 
         // ---- programs
@@ -1322,190 +884,138 @@ public final class WindwardScheme {
                 return 0;
             }
             programs++;
-            heap.calls++;
-            return begunProgram(programs, datum);
+            setProgram(programs, datum);
+            return programs;
         }
 
         /** Lets a number be that of a program that begins now. */
-        int begunProgram(int program, int datum) {
-            programData.put(program, datum);
-            programMeanings.put(program, newest.get(0));
-            programMeanings.used = Math.max(programMeanings.used, program + 1);
-            return program;
+        void setProgram(int program, int datum) {
+            put(programData, program, datum);
+            put(programChanges, program, changeCount);
         }
 
         int datumOf(int program) {
-            return programData.get(program);
+            return at(programData, program);
         }
 
-        int slotOf(int program) {
-            return programSlots.get(program);
-        }
-
-        /** The literals and rules that the newest program defines. */
-        int newRules() {
-            return newest.get(1);
-        }
-
-        void setNewRules(int program, int rules) {
-            if (program == programs) {
-                newest.put(1, rules);
-            }
-        }
-
-        /** Lets rows be what symbols meant when a program began, and the rules of macros then. */
-        void recallMeanings(int program, Row meaningsThen, Row rulesThen) {
-            for (int symbol = 0; symbol < SYMBOLS; symbol++) {
-                meaningsThen.put(symbol, symbol <= SYNTAX_SYMBOL ? KEYWORD : UNKNOWN);
-                rulesThen.put(symbol, 0);
-            }
-            long seen = 0;
-            int version = programMeanings.get(program);
-            for (int i = 0; i < MAX_STEPS && version != 0; i++) {
-                int symbol = heap.noteOf(version) & (1 << MEANING_SHIFT) - 1;
-                if ((seen >> symbol & 1) == 0) {
-                    meaningsThen.put(symbol, heap.noteOf(version) >> MEANING_SHIFT);
-                    rulesThen.put(symbol, heap.at(version, ITEM));
-                }
-                seen |= 1L << symbol;
-                version = heap.at(version, NEXT);
-            }
+        int rootOf(int program) {
+            return at(roots, program);
         }
 
         boolean isLoaded(int program) {
-            return program >= 0 && program < tables.length && tables[program] != null && tables[program].used > 0;
+            return program >= 0 && program < ends.length && ends[program] > 0;
         }
 
         /** A number of the image of a program. */
         int word(int program, int offset) {
-            int place = offset >> PAGE_BITS;
-            if (program < 0 || program >= tables.length || tables[program] == null || place >= tables[program].used) {
+            if (program < 0 || program >= images.length) {
                 return 0;
             }
-            long[] table = tables[program].words;
-            if (place < 0 || place >> 1 >= table.length) {
-                return 0;
+            Area image = images[program];
+            return image == null ? 0 : (int) (image.get(offset >> 1) >>> ((offset & 1) << 5));
+        }
+
+        /** What a datum in an image is. */
+        long plainValue(int program, int datum) {
+            int content = datum >> DATUM_BITS;
+            switch (datum & (1 << DATUM_BITS) - 1) {
+                case SYMBOL_DATUM:
+                    return symbolValue(content);
+                case PAIR_DATUM:
+                    return QUOTED | (long) content << VALUE_BITS | (long) program << VALUE_BITS + OFFSET_BITS;
+                default:
+                    return valueOf(content);
             }
-            int page = (int) (table[place >> 1] >>> ((place & 1) << 5));
-            int at = (offset & PAGE_MASK) >> 1;
-            if (page < 0 || page >= pages.length || pages[page] == null || at >= pages[page].words.length) {
-                return 0;
+        }
+
+        /** Lets so many blocks be free in the room; other images may be given up for them. */
+        boolean makeRoom(int blocks, int kept) {
+            for (int i = 0; i < MAX_PROGRAMS && room.spare() < blocks; i++) {
+                if (!isLargestDropped(kept)) {
+                    break;
+                }
             }
-            return (int) (pages[page].words[at] >>> ((offset & 1) << 5));
+            return room.spare() >= blocks;
+        }
+
+        /** Gives up the largest image but for some; whether there was one. */
+        private boolean isLargestDropped(int kept) {
+            int largest = -1;
+            for (int i = 0; i < MAX_PROGRAMS; i++) {
+                boolean isFree = i != open && i != kept && at(ends, i) > 0;
+                largest = isFree && (largest < 0 || at(ends, i) > at(ends, largest)) ? i : largest;
+            }
+            dropImage(largest);
+            return largest >= 0;
+        }
+
+        private int blocksOfImages() {
+            int blocks = 0;
+            for (int i = 0; i < images.length; i++) {
+                blocks += images[i] == null ? 0 : images[i].countOfBlocks();
+            }
+            return blocks;
+        }
+
+        private void dropImage(int program) {
+            if (program >= 0 && program < images.length && images[program] != null) {
+                images[program].release();
+                put(ends, program, 0);
+            }
         }
 
         /** Begins to make the image of a program. If there was one that was given up, more of them are to be held. */
         void openImage(int program) {
-            boolean isAgain = program != 0 && programSlots.get(program) != 0;
-            mostPages = isAgain ? Math.min(MAX_PAGES, 2 * mostPages) : mostPages;
-            if (program >= tables.length && program < MAX_PROGRAMS) {
-                Row[] more = new Row[Math.min(MAX_PROGRAMS, 4 * program)];
-                for (int i = 0; i < tables.length; i++) {
-                    more[i] = tables[i];
-                }
-                tables = more;
+            boolean isAgain = program != 0 && at(roots, program) != 0;
+            mostOfImages = isAgain ? Math.min(MOST_BLOCKS, 2 * mostOfImages) : mostOfImages;
+            dropImage(program);
+            for (int i = 0; i < MAX_PROGRAMS && blocksOfImages() > mostOfImages; i++) {
+                isLargestDropped(program);
+            }
+            if (program >= 0 && program < images.length && images[program] == null) {
+                images[program] = new Area(room, MOST_OF_IMAGE);
             }
             open = program;
-            end = 1;
-            if (program >= 0 && program < tables.length && tables[program] == null) {
-                tables[program] = new Row(FEW, MAX_PAGES);
-                tables[program].used = 0;
-            }
-            dropImage(program);
-            programSlots.put(program, 0);
+            put(ends, open, 1);
         }
 
-        /** Ends it, with the slot of the program; 0 if it is wrong. */
-        void closeImage(int slot) {
-            programSlots.put(open, slot);
-            if (slot == 0) {
+        /** Ends it; it is given up if the program is wrong. */
+        void closeImage(boolean isRight, int root) {
+            put(roots, open, root);
+            if (!isRight) {
                 dropImage(open);
-            } else if (end == 1) {
-                emit(0);
             }
+            open = -1;
         }
 
         int nextOffset() {
-            return end;
+            return at(ends, open);
         }
 
         /** Puts a number behind the image that is made; where it is. */
         int emit(int number) {
-            if (end >> PAGE_BITS >= countOfPages(open)) {
-                addPage();
+            int end = at(ends, open);
+            if (open >= 0 && open < images.length && images[open] != null && end < OFFSET_MASK) {
+                images[open].reach((end >> 1) + 1);
+                put(ends, open, end + 1);
+                patch(end, number);
             }
-            patch(end, number);
-            end++;
-            return end - 1;
+            return end;
+        }
+
+        /** Adds to a number of the image that is made. */
+        void addTo(int offset, int number) {
+            patch(offset, word(open, offset) + number);
         }
 
         /** Puts a number in place of another one of the image that is made. */
         void patch(int offset, int number) {
-            int place = offset >> PAGE_BITS;
-            int page = place >= 0 && place < countOfPages(open) ? tables[open].get(place) : -1;
-            if (page >= 0 && page < pages.length && pages[page] != null) {
-                pages[page].put(offset & PAGE_MASK, number);
-            }
-        }
-
-        private int countOfPages(int program) {
-            boolean isThere = program >= 0 && program < tables.length && tables[program] != null;
-            return isThere ? tables[program].used : 0;
-        }
-
-        /** Puts a free page behind the image that is made. */
-        private void addPage() {
-            if (freePages.used > 0 && open >= 0 && open < tables.length && tables[open] != null) {
-                Row table = tables[open];
-                freePages.used--;
-                table.put(table.used, freePages.get(freePages.used));
-                table.used++;
-            }
-        }
-
-        /** Lets there be some free pages, if that can be; other images may be given up for them, the largest one first. */
-        boolean hasPages(int needed) {
-            int allowed = Math.min(MAX_PAGES, Math.max(MIN_PAGES, heap.mostPages()));
-            int most = Math.min(allowed, mostPages + countOfPages(open));
-            for (int i = 0; i < MAX_PROGRAMS && freePages.used < needed && pageCount + needed > most; i++) {
-                int largest = 0;
-                for (int j = 1; j < tables.length; j++) {
-                    largest = j != open && countOfPages(j) > countOfPages(largest) || largest == open ? j : largest;
-                }
-                if (largest == open || countOfPages(largest) == 0) {
-                    break;
-                }
-                dropImage(largest);
-            }
-            for (int i = 0; i < needed && freePages.used < needed && pageCount < allowed; i++) {
-                makePage();
-            }
-            return freePages.used >= needed;
-        }
-
-        private void makePage() {
-            if (pageCount >= pages.length) {
-                Row[] more = new Row[Math.min(MAX_PAGES, 4 * pageCount)];
-                for (int i = 0; i < pages.length; i++) {
-                    more[i] = pages[i];
-                }
-                pages = more;
-            }
-            if (pageCount < pages.length) {
-                pages[pageCount] = new Row(PAGE_NUMBERS, 0);
-                freePages.add(pageCount);
-                pageCount++;
-                heap.pages = pageCount;
-            }
-        }
-
-        private void dropImage(int program) {
-            int count = countOfPages(program);
-            for (int i = 0; i < count; i++) {
-                freePages.add(tables[program].get(i));
-            }
-            if (count > 0) {
-                tables[program].used = 0;
+            if (open >= 0 && open < images.length && images[open] != null) {
+                Area image = images[open];
+                long old = image.get(offset >> 1);
+                long word = number & 0xFFFFFFFFL;
+                boolean isLow = (offset & 1) == 0;
+                image.put(offset >> 1, isLow ? old >>> 32 << 32 | word : old << 32 >>> 32 | word << 32);
             }
         }
     }
@@ -1521,33 +1031,28 @@ public final class WindwardScheme {
         private static final int CLOSE = 4;
         private static final int UNBIND = 5;
         private static final int MAX_JOBS = 2048;
-        private static final int MOST_MADE = 64;
 
-        private final Heap heap;
-        private final Values values;
-        private final Body body;
         private final Store store;
+        private final Finder finder;
         private final char[] text;
         int length;
         private final char[] draft;
         private int drafted;
-        private final Row jobs;
-        private final Row subjects;
+        private final int[] jobs;
+        private final long[] subjects;
         private int waiting;
-        private final Row binders; // the number of the first variable of each lambda around
+        private final int[] binders; // the number of the first variable of each lambda around
         private int bindersAround;
         private int variables;
 
-        Writer(Heap heap, Store store, Values values, Body body) {
-            this.heap = heap;
+        Writer(Store store, Finder finder) {
             this.store = store;
-            this.values = values;
-            this.body = body;
+            this.finder = finder;
             text = new char[MAX_TEXT];
             draft = new char[MAX_TEXT];
-            jobs = new Row(MAX_JOBS, MAX_JOBS);
-            subjects = heap.newRoots(MAX_JOBS, MAX_JOBS);
-            binders = new Row(MAX_LEVEL, MAX_LEVEL);
+            jobs = new int[MAX_JOBS];
+            subjects = new long[MAX_JOBS];
+            binders = new int[LEVELS];
         }
 
         char signAt(int index) {
@@ -1569,7 +1074,7 @@ public final class WindwardScheme {
         }
 
         /** Begins to write a datum, or the slot of program 0. */
-        void start(boolean isProgram, int subject) {
+        void start(boolean isProgram, long subject) {
             drafted = 0;
             waiting = 0;
             bindersAround = 0;
@@ -1579,23 +1084,17 @@ public final class WindwardScheme {
 
         /** Goes on with writing; the number of a program that must be expanded for it first, or 0 at the end. */
         int goOn() {
-            boolean isRight = true;
-            for (int i = 0; i < MAX_STEPS && isRight && waiting > 0 && drafted <= MAX_TEXT; i++) {
-                subjects.used = waiting;
-                if (heap.freeCells < MOST_MADE) {
-                    heap.makeRoom(MOST_MADE, 0);
+            for (int i = 0; i < MAX_STEPS && waiting > 0 && waiting < MAX_JOBS - 2 && drafted <= MAX_TEXT; i++) {
+                if (finder.isBusy()) {
+                    finder.goOn();
                 }
-                if (values.wanted < 0) {
-                    return -values.wanted;
-                }
-                if (values.wanted > 0 || body.isFinding()) {
-                    isRight = body.find(0);
-                    continue;
+                if (finder.wanted != 0) {
+                    return finder.takeWanted();
                 }
                 waiting--;
                 int job = waiting;
-                int next = subjects.get(waiting);
-                switch (jobs.get(waiting)) {
+                long next = wordAt(subjects, waiting);
+                switch (at(jobs, waiting)) {
                     case DATUM:
                         startDatum(next);
                         break;
@@ -1603,10 +1102,10 @@ public final class WindwardScheme {
                         putTail(next);
                         break;
                     case FORM:
-                        startForm(next);
+                        startForm((int) next);
                         break;
                     case FORMS:
-                        putForms(next);
+                        putForms((int) next);
                         break;
                     case CLOSE:
                         put(')');
@@ -1615,25 +1114,22 @@ public final class WindwardScheme {
                         bindersAround--;
                 }
                 // A part that is not there yet is put when it is.
-                waiting = values.wanted == 0 ? waiting : job + 1;
+                waiting = finder.isBusy() || finder.wanted != 0 ? job + 1 : waiting;
             }
-            drafted = isRight ? drafted : MAX_TEXT + 1;
+            drafted = waiting > 0 ? MAX_TEXT + 1 : drafted;
+            finder.drop();
             return 0;
         }
 
         /** Goes on behind the expansion of a program, which may have found no room. */
         void takeProgram(boolean isThere) {
-            values.wanted = 0;
             if (!isThere) {
-                body.dropTasks();
-                waiting = 0;
-                drafted = MAX_TEXT + 1;
+                waiting = MAX_JOBS;
             }
         }
 
         /** Ends with writing: the length of the text; -1 if it would be too long. */
         int finish() {
-            subjects.used = 0;
             if (drafted > MAX_TEXT) {
                 return -1;
             }
@@ -1642,9 +1138,9 @@ public final class WindwardScheme {
             return length;
         }
 
-        private void later(int job, int subject) {
-            jobs.put(waiting, job);
-            subjects.put(waiting, subject);
+        private void later(int job, long subject) {
+            WindwardScheme.put(jobs, waiting, job);
+            putWord(subjects, waiting, subject);
             waiting++;
         }
 
@@ -1655,13 +1151,13 @@ public final class WindwardScheme {
             drafted++;
         }
 
-        private void putWord(String word) {
+        private void putText(String word) {
             for (int i = 0; i < word.length(); i++) {
                 put(word.charAt(i));
             }
         }
 
-        private void putNumber(int number) {
+        private void putNumber(long number) {
             long rest = number;
             if (rest < 0) {
                 put('-');
@@ -1682,65 +1178,68 @@ public final class WindwardScheme {
             putNumber(number);
         }
 
-        private void startDatum(int cell) {
-            switch (heap.kindOf(cell)) {
+        private void startDatum(long value) {
+            switch (tagOf(value)) {
                 case NUMBER:
-                    putNumber(heap.at(cell, AMOUNT));
-                    if (heap.at(cell, DENOMINATOR) != 1) {
+                    putNumber(numeratorOf(value));
+                    if (denominatorOf(value) != 1) {
                         put('/');
-                        putNumber(heap.at(cell, DENOMINATOR));
+                        putNumber(denominatorOf(value));
                     }
-                    break;
-                case SYMBOL:
-                    putNamed('s', heap.at(cell, AMOUNT));
-                    break;
-                case TRUTH:
-                    putWord(cell == TRUE_CELL ? "#t" : "#f");
-                    break;
-                case EMPTY:
-                    putWord("()");
                     break;
                 case PAIR:
                 case VIEW:
                 case QUOTED:
-                    putPart('(', cell);
+                    putPart('(', value);
                     break;
                 case CLOSURE:
-                    putWord("#c");
-                    break;
-                case PRIMITIVE:
-                    putWord("#p");
-                    putNumber(heap.at(cell, AMOUNT));
+                    putText("#c");
                     break;
                 case CONTINUATION:
-                    putWord("#k");
+                    putText("#k");
                     break;
                 default:
-                    putWord("#u");
+                    putAtom(value);
             }
         }
 
-        /** Puts the first part of a pair behind a sign; if an episode is wanted for it, nothing is done. */
-        private void putPart(char sign, int pair) {
-            int part = values.firstOf(pair);
-            int rest = part == 0 ? 0 : values.restOf(pair);
+        private void putAtom(long value) {
+            switch ((int) value & ATOM_MASK) {
+                case SYMBOL_ATOM:
+                    putNamed('s', atomNumber(value));
+                    break;
+                case TRUTH_ATOM:
+                    putText(value == TRUE ? "#t" : "#f");
+                    break;
+                case PRIMITIVE_ATOM:
+                    putText("#p");
+                    putNumber(atomNumber(value));
+                    break;
+                default:
+                    putText(value == EMPTY ? "()" : "#u");
+            }
+        }
+
+        /** Puts the first part of a pair behind a sign; if something is wanted for it, nothing is done. */
+        private void putPart(char sign, long pair) {
+            long first = finder.firstOf(pair);
+            long rest = first == 0 ? 0 : finder.restOf(pair);
             if (rest != 0) {
                 put(sign);
                 later(TAIL, rest);
-                later(DATUM, part);
+                later(DATUM, first);
             }
         }
 
-        private void putTail(int cell) {
-            int cellKind = heap.kindOf(cell);
-            if (cellKind == EMPTY) {
+        private void putTail(long value) {
+            if (value == EMPTY) {
                 put(')');
-            } else if (values.isPair(cell)) {
-                putPart(' ', cell);
+            } else if (isPairValue(value)) {
+                putPart(' ', value);
             } else {
-                putWord(" . ");
+                putText(" . ");
                 later(CLOSE, 0);
-                later(DATUM, cell);
+                later(DATUM, value);
             }
         }
 
@@ -1764,18 +1263,20 @@ public final class WindwardScheme {
                     later(FORM, store.word(0, content));
                     break;
                 case BRANCH:
-                    putWord("(if");
+                    putText("(if");
                     later(FORMS, content);
                     break;
                 case SEQUENCE:
-                    putWord("(begin");
+                    putText("(begin");
                     later(FORMS, content);
                     break;
                 case CONSTANT:
-                    later(DATUM, content);
+                    later(DATUM, store.valueOf(content));
                     break;
                 case QUOTATION:
-                    startQuote(content);
+                    putText("(quote ");
+                    later(CLOSE, 0);
+                    later(DATUM, store.plainValue(0, content));
                     break;
                 case LOCAL:
                     putVariable(slot);
@@ -1788,42 +1289,33 @@ public final class WindwardScheme {
             }
         }
 
-        private void startQuote(int datum) {
-            putWord("(quote ");
-            later(CLOSE, 0);
-            later(DATUM, datum);
-        }
-
         private void putVariable(int slot) {
-            int first = binders.get(bindersAround - 1 - (slot >>> DEPTH_OUT_SHIFT));
-            putNamed('x', first + (slot >> SLOT_SHIFT & PLACE_MASK));
+            int first = at(binders, bindersAround - 1 - (slot >>> DEPTH_OUT_SHIFT));
+            putNamed('x', first + (slot >> SLOT_SHIFT & REST - 1));
         }
 
         private void startOther(int node) {
             int info = store.word(0, node + 1);
             switch (store.word(0, node)) {
                 case LAMBDA:
-                    putWord("(lambda ");
-                    startLambda(info >> 1, (info & 1) != 0);
+                    putText("(lambda ");
+                    startLambda(info >> 1 & REST - 1, (info & 1) != 0);
                     later(FORMS, node + BODY_PLACE);
                     return;
-                case QUOTE:
-                    startQuote(heap.make(QUOTED, 0, info, 0, 0));
-                    return;
                 case SET_LOCAL:
-                    putWord("(set ");
+                    putText("(set ");
                     putVariable(info);
                     break;
                 case SET_GLOBAL:
-                    putWord("(set ");
+                    putText("(set ");
                     putNamed('s', info);
                     break;
                 case DEFINITION:
-                    putWord("(define ");
+                    putText("(define ");
                     putNamed('s', info);
                     break;
                 default:
-                    putWord("(define-syntax ");
+                    putText("(define-syntax ");
                     putNamed('s', info);
                     put(')');
                     return;
@@ -1839,7 +1331,7 @@ public final class WindwardScheme {
             int bound = parameters + (hasRest ? 1 : 0);
             variables += bound;
             if (bound > 0) {
-                binders.put(bindersAround, first);
+                WindwardScheme.put(binders, bindersAround, first);
                 bindersAround++;
                 later(UNBIND, 0);
             }
@@ -1855,7 +1347,7 @@ public final class WindwardScheme {
                 putNamed('x', first + i);
             }
             if (hasRest) {
-                putWord(" . ");
+                putText(" . ");
                 putNamed('x', first + parameters);
             }
             put(')');
@@ -1873,18 +1365,18 @@ public final class WindwardScheme {
         private int pieceCount;
         int needed;
         // The lists that are open: how far each one is, the depth of its parts, where its parts begin.
-        private final Row stages;
-        private final Row depths;
-        private final Row parts;
+        private final int[] stages;
+        private final int[] depths;
+        private final int[] parts;
         private int open;
 
         Reader() {
             pieces = new char[MAX_TEXT];
             tops = new long[MAX_TEXT];
             bottoms = new long[MAX_TEXT];
-            stages = new Row(MAX_TEXT + 1, MAX_TEXT + 1);
-            depths = new Row(MAX_TEXT + 1, MAX_TEXT + 1);
-            parts = new Row(MAX_TEXT + 1, MAX_TEXT + 1);
+            stages = new int[MAX_TEXT + 1];
+            depths = new int[MAX_TEXT + 1];
+            parts = new int[MAX_TEXT + 1];
         }
 
         /** Whether the text is one datum that is not too deep; then needed is how many data it would lay. */
@@ -1963,7 +1455,7 @@ public final class WindwardScheme {
                 return false;
             }
             addPiece('n', isNegative ? -top : top, bottom);
-            return Store.fits(top, bottom);
+            return fraction(top, bottom) != 0;
         }
 
         /** The number that 1 to 18 digits are; -1 if they are none. */
@@ -1987,22 +1479,22 @@ public final class WindwardScheme {
         private boolean isOneDatum() {
             open = 0;
             needed = 0;
-            stages.put(0, 2);
+            put(stages, 0, 2);
             for (int i = 0; i < pieceCount && i < MAX_TEXT; i++) {
                 boolean isRight;
                 switch (pieces[i]) {
                     case '(':
                         open++;
-                        stages.put(open, 0);
-                        depths.put(open, 1);
+                        put(stages, open, 0);
+                        put(depths, open, 1);
                         isRight = true;
                         break;
                     case ')':
                         isRight = closes();
                         break;
                     case '.':
-                        isRight = stages.get(open) == 1;
-                        stages.put(open, 2);
+                        isRight = at(stages, open) == 1;
+                        put(stages, open, 2);
                         break;
                     default:
                         needed++;
@@ -2012,14 +1504,14 @@ public final class WindwardScheme {
                     return false;
                 }
             }
-            return open == 0 && stages.get(0) == 3;
+            return open == 0 && at(stages, 0) == 3;
         }
 
         private boolean takesPart(int depth) {
-            int stage = stages.get(open);
+            int stage = at(stages, open);
             boolean isEnd = stage == 2;
-            stages.put(open, isEnd ? 3 : 1);
-            depths.put(open, Math.max(depths.get(open), isEnd ? depth : depth + 1));
+            put(stages, open, isEnd ? 3 : 1);
+            put(depths, open, Math.max(at(depths, open), isEnd ? depth : depth + 1));
             if (!isEnd) {
                 needed++;
             }
@@ -2027,14 +1519,14 @@ public final class WindwardScheme {
         }
 
         private boolean closes() {
-            int stage = stages.get(open);
+            int stage = at(stages, open);
             if (open == 0 || stage == 2) {
                 return false;
             }
             if (stage != 3) {
                 needed++;
             }
-            int depth = depths.get(open);
+            int depth = at(depths, open);
             open--;
             return takesPart(depth);
         }
@@ -2047,32 +1539,32 @@ public final class WindwardScheme {
                 switch (pieces[i]) {
                     case '(':
                         open++;
-                        stages.put(open, 0);
-                        depths.put(open, top);
+                        put(stages, open, 0);
+                        put(depths, open, top);
                         break;
                     case ')':
-                        int start = depths.get(open);
-                        parts.put(start, layList(store, start, top));
+                        int start = at(depths, open);
+                        put(parts, start, layList(store, start, top));
                         top = start + 1;
                         open--;
                         break;
                     case '.':
-                        stages.put(open, 2);
+                        put(stages, open, 2);
                         break;
                     default:
-                        parts.put(top, layPiece(store, i));
+                        put(parts, top, layPiece(store, i));
                         top++;
                 }
             }
-            return parts.get(0);
+            return at(parts, 0);
         }
 
         private int layList(Store store, int start, int top) {
-            boolean isDotted = stages.get(open) == 2;
+            boolean isDotted = at(stages, open) == 2;
             int last = isDotted ? top - 1 : top;
-            int list = isDotted ? parts.get(last) : store.lay(EMPTY_CELL);
+            int list = isDotted ? at(parts, last) : store.lay(EMPTY);
             for (int i = last - 1; i >= start; i--) {
-                list = store.layPair(parts.get(i), list);
+                list = store.layPair(at(parts, i), list);
             }
             return list;
         }
@@ -2084,54 +1576,306 @@ public final class WindwardScheme {
             long top = tops[index];
             switch (pieces[index]) {
                 case 's':
-                    return store.lay(FIRST_SYMBOL_CELL + (int) top);
+                    return store.lay(symbolValue((int) top));
                 case 't':
-                    return store.lay(top == 1 ? TRUE_CELL : FALSE_CELL);
+                    return store.lay(top == 1 ? TRUE : FALSE);
                 default:
-                    return store.layNumber(top, bottoms[index]);
+                    return store.lay(fraction(top, bottoms[index]));
             }
         }
     }
 
     /**
-     * Macros: whether their patterns are right, what they match, and what templates come to. A variable that is a row is
-     * bound to the whole list, with the pattern ahead of the ellipsis; so it takes no cells for what is in the list, until
-     * the parts of the list are matched with that pattern, one behind the other.
+     * Macros, and what they and forms are seen by: terms. A term is a laid datum, or a pair or a renamed name that an
+     * expansion made, which are nodes of one word each; those of the expansion at hand are given up behind it, but the rules
+     * of a macro that a macro made are kept. Names that are bound are known here, too.
+     *
+     * <p>A variable of a pattern that is a row is bound to the whole list, with the pattern ahead of the ellipsis; so nothing
+     * is held for what is in the list, until its parts are matched with that pattern, one behind the other.
      */
     private static final class Macros {
-        private final Heap heap;
+        private static final int FIRST_NODE = 4096;
+        private static final int FIRST_SCRATCH = 1 << 20;
+        private static final int INDEX = FIRST_SCRATCH - 1; // of the node of a term
+        private static final int TERM_BITS = 21;
+        private static final int TERM_MASK = (1 << 21) - 1;
+        // A pair: 0, its parts, a note; a renamed name: 1, the name under it, its mark, its symbol.
+        private static final int UNDER_SHIFT = 1;
+        private static final int SECOND_SHIFT = 22;
+        private static final int NOTE_SHIFT = 43;
+        private static final int SYMBOL_SHIFT = 42;
+        private static final int MARK_BITS = 20;
+        private static final int MOST_NODES = 4096; // blocks
+        private static final int MOST_PARTS = 3 * MAX_SIZE;
+        private static final int HEADS = 1024;
+        private static final int HEADS_SHIFT = 22;
+        // A bound name: its term, what is known of it, the one that was bound before with the same head.
+        private static final int KNOWN_SHIFT = 21;
+        private static final int KNOWN_MASK = (1 << 25) - 1;
+        private static final int NEXT_SHIFT = 46;
+        private static final int MAX_UNDER = 1000;
+
         private final Store store;
+        private final Area kept;
+        private int keptCount;
+        private final Area scratch;
+        private int scratchCount;
+        private final Area scopes;
+        private int scopeCount;
+        private final int[] heads;
+        private final Area bindings; // of the variables of patterns: name, what it matched, pattern of a row or 0
+        private int bound;
+        private final Area rows; // patterns, with what is left of their lists
+        private int rowCount;
+        private final Area parts; // of lists that are built
+        private int built;
         private long literals;
-        private int scope;
-        private int names;
-        private int bindings; // of the variables of patterns
         private int mark;
         private int size;
-        private int rows; // patterns with what is left of their lists
         private int rowLength;
         private boolean areRowsEven;
 
-        Macros(Heap heap, Store store) {
-            this.heap = heap;
+        Macros(Area room, Store store) {
             this.store = store;
+            kept = new Area(room, MOST_NODES);
+            scratch = new Area(room, MOST_NODES);
+            scopes = new Area(room, MOST_NODES);
+            bindings = new Area(room, MOST_NODES);
+            rows = new Area(room, MOST_NODES);
+            parts = new Area(room, MOST_NODES);
+            heads = new int[HEADS];
+            keptCount = FIRST_NODE;
         }
+
+        /** Gives up all that the expansion at hand made. */
+        void giveUp() {
+            leaveScopes(0);
+            scratchCount = 0;
+            bound = 0;
+            rowCount = 0;
+            built = 0;
+            scratch.release();
+            scopes.release();
+            bindings.release();
+            rows.release();
+            parts.release();
+        }
+
+        // ---- terms
+
+        /** The number of a datum that was laid; -1 if it is none. */
+        static int datumOf(int term) {
+            return term < FIRST_NODE ? term - 1 : -1;
+        }
+
+        boolean isPair(int term) {
+            Area nodes = term >= FIRST_SCRATCH ? scratch : kept;
+            return term < FIRST_NODE ? store.isLaidPair(term - 1) : (nodes.get(term & INDEX) & 1) == 0;
+        }
+
+        int first(int term) {
+            Area nodes = term >= FIRST_SCRATCH ? scratch : kept;
+            return term < FIRST_NODE
+                    ? store.firstOf(term - 1) + 1
+                    : (int) (nodes.get(term & INDEX) >>> UNDER_SHIFT) & TERM_MASK;
+        }
+
+        int rest(int term) {
+            Area nodes = term >= FIRST_SCRATCH ? scratch : kept;
+            return term < FIRST_NODE
+                    ? store.restOf(term - 1) + 1
+                    : (int) (nodes.get(term & INDEX) >>> SECOND_SHIFT) & TERM_MASK;
+        }
+
+        boolean isRenamed(int term) {
+            Area nodes = term >= FIRST_SCRATCH ? scratch : kept;
+            return term >= FIRST_NODE && (nodes.get(term & INDEX) & 1) != 0;
+        }
+
+        boolean isName(int term) {
+            return symbolOf(term) >= 0;
+        }
+
+        /** The symbol of a name; -1 if it is none. */
+        int symbolOf(int term) {
+            if (term >= FIRST_NODE) {
+                Area nodes = term >= FIRST_SCRATCH ? scratch : kept;
+                long node = nodes.get(term & INDEX);
+                return (node & 1) != 0 ? (int) (node >>> SYMBOL_SHIFT) : -1;
+            }
+            long value = store.valueOf(term - 1);
+            return ((int) value & ATOM_MASK) == SYMBOL_ATOM ? atomNumber(value) : -1;
+        }
+
+        boolean isEmptyList(int term) {
+            return term < FIRST_NODE && store.valueOf(term - 1) == EMPTY;
+        }
+
+        private int markOf(int term) {
+            Area nodes = term >= FIRST_SCRATCH ? scratch : kept;
+            long node = term < FIRST_NODE ? 0 : nodes.get(term & INDEX);
+            return (node & 1) != 0 ? (int) (node >>> SECOND_SHIFT) & (1 << MARK_BITS) - 1 : 0;
+        }
+
+        /** What is noted with a pair that was made; 0 if nothing is. */
+        int noteOf(int term) {
+            return term < FIRST_SCRATCH ? 0 : (int) (scratch.get(term & INDEX) >>> NOTE_SHIFT);
+        }
+
+        void setNote(int term, int note) {
+            if (term >= FIRST_SCRATCH) {
+                long node = scratch.get(term & INDEX) & (1L << NOTE_SHIFT) - 1;
+                scratch.put(term & INDEX, node | (long) note << NOTE_SHIFT);
+            }
+        }
+
+        /** Whether two names are the same: one symbol, or the same mark on the same name. */
+        private boolean areSameNames(int name, int other) {
+            int a = name;
+            int b = other;
+            for (int i = 0; i < MAX_UNDER && a != b && a >= FIRST_NODE && b >= FIRST_NODE; i++) {
+                long one = (a >= FIRST_SCRATCH ? scratch : kept).get(a & INDEX);
+                long two = (b >= FIRST_SCRATCH ? scratch : kept).get(b & INDEX);
+                if (((one ^ two) >>> SECOND_SHIFT & (1 << MARK_BITS) - 1) != 0) {
+                    return false;
+                }
+                a = (int) (one >>> UNDER_SHIFT) & TERM_MASK;
+                b = (int) (two >>> UNDER_SHIFT) & TERM_MASK;
+            }
+            return a == b || a < FIRST_NODE && b < FIRST_NODE && store.valueOf(a - 1) == store.valueOf(b - 1);
+        }
+
+        /** The number of parts of a list; -1 if it does not end with the empty list. */
+        int lengthOf(int list) {
+            int length = 0;
+            int cell = list;
+            for (int i = 0; i < MAX_SIZE && isPair(cell); i++) {
+                cell = rest(cell);
+                length++;
+            }
+            return isEmptyList(cell) ? length : -1;
+        }
+
+        private int newNode(long node) {
+            scratch.reach(scratchCount + 1);
+            scratch.put(scratchCount, node);
+            scratchCount++;
+            return FIRST_SCRATCH + scratchCount - 1;
+        }
+
+        private int newKept(long node) {
+            kept.put(keptCount, node);
+            keptCount++;
+            return keptCount - 1;
+        }
+
+        private static long pairNode(int first, int rest) {
+            return (long) first << UNDER_SHIFT | (long) rest << SECOND_SHIFT;
+        }
+
+        private static long nameNode(int under, int nameMark, int symbol) {
+            return 1 | (long) under << UNDER_SHIFT | (long) nameMark << SECOND_SHIFT | (long) symbol << SYMBOL_SHIFT;
+        }
+
+        private void addPart(int part) {
+            parts.put(built, part);
+            built++;
+        }
+
+        /** A term that is there as long as the object. */
+        int keptTerm(int term, int level) {
+            if (level == 0) {
+                kept.reach(keptCount + MOST_PARTS);
+                parts.reach(MOST_PARTS);
+            }
+            int bottom = built;
+            int cell = term;
+            for (int i = 0; i < MAX_SIZE && cell >= FIRST_SCRATCH && level <= MAX_LEVEL && isPair(cell); i++) {
+                addPart(keptTerm(first(cell), level + 1));
+                cell = rest(cell);
+            }
+            int copy = isRenamed(cell) && cell >= FIRST_SCRATCH ? keptName(cell) : cell;
+            for (int i = built - 1; i >= bottom; i--) {
+                copy = newKept(pairNode((int) parts.get(i), copy));
+            }
+            built = bottom;
+            return copy;
+        }
+
+        private int keptName(int name) {
+            int bottom = built;
+            int under = name;
+            for (int i = 0; i < MAX_UNDER && under >= FIRST_SCRATCH && isRenamed(under); i++) {
+                addPart(under);
+                under = first(under);
+            }
+            for (int i = built - 1; i >= bottom; i--) {
+                int old = (int) parts.get(i);
+                under = newKept(nameNode(under, markOf(old), symbolOf(old)));
+            }
+            built = bottom;
+            return under;
+        }
+
+        // ---- names that are bound
+
+        private static int headOf(int symbol, int nameMark) {
+            return (symbol * 31 + nameMark) * 0x9E3779B1 >>> HEADS_SHIFT;
+        }
+
+        int countOfScopes() {
+            return scopeCount;
+        }
+
+        /** Binds a name, with what is to be known of it. */
+        void bindName(int name, int known) {
+            int head = headOf(symbolOf(name), markOf(name));
+            scopes.reach(scopeCount + 1);
+            scopes.put(scopeCount, name | (long) known << KNOWN_SHIFT | (long) at(heads, head) << NEXT_SHIFT);
+            scopeCount++;
+            put(heads, head, scopeCount);
+        }
+
+        /** Lets so many names be bound, as they were before. */
+        void leaveScopes(int count) {
+            for (int i = scopeCount - 1; i >= count; i--) {
+                long scope = scopes.get(i);
+                int name = (int) scope & TERM_MASK;
+                put(heads, headOf(symbolOf(name), markOf(name)), (int) (scope >>> NEXT_SHIFT));
+            }
+            scopeCount = Math.min(scopeCount, count);
+        }
+
+        /** What is known of a name that is bound; -1 if it is not. */
+        int known(int name) {
+            int symbol = symbolOf(name);
+            int scope = symbol < 0 ? 0 : at(heads, headOf(symbol, markOf(name)));
+            for (int i = 0; i < MAX_STEPS && scope > 0; i++) {
+                long found = scopes.get(scope - 1);
+                if (areSameNames((int) found & TERM_MASK, name)) {
+                    return (int) (found >>> KNOWN_SHIFT) & KNOWN_MASK;
+                }
+                scope = (int) (found >>> NEXT_SHIFT);
+            }
+            return -1;
+        }
+
+        // ---- rules
 
         /** Whether this is a list of literals and of rules with right patterns. */
         boolean areRules(int definition) {
-            if (heap.kindOf(definition) != PAIR || !areLiterals(heap.at(definition, FIRST))) {
+            if (!isPair(definition) || !areLiterals(first(definition))) {
                 return false;
             }
-            int rules = heap.at(definition, REST);
-            for (int i = 0; i < MAX_SIZE && heap.kindOf(rules) == PAIR; i++) {
-                int rule = heap.at(rules, FIRST);
-                int pattern = heap.at(rule, FIRST);
-                names = 0;
-                if (store.lengthOf(rule) != 2
-                        || heap.kindOf(pattern) != PAIR
-                        || !isRightPattern(heap.at(pattern, REST), 0)) {
+            int rules = rest(definition);
+            for (int i = 0; i < MAX_SIZE && isPair(rules); i++) {
+                int rule = first(rules);
+                int pattern = first(rule);
+                bound = 0;
+                if (lengthOf(rule) != 2 || !isPair(pattern) || !isRightPattern(rest(pattern), 0)) {
                     return false;
                 }
-                rules = heap.at(rules, REST);
+                rules = rest(rules);
             }
             return true;
         }
@@ -2140,15 +1884,15 @@ public final class WindwardScheme {
         private boolean areLiterals(int list) {
             literals = 0;
             int cell = list;
-            for (int i = 0; i < MAX_SIZE && heap.kindOf(cell) == PAIR; i++) {
-                int symbol = store.symbolOf(heap.at(cell, FIRST));
+            for (int i = 0; i < MAX_SIZE && isPair(cell); i++) {
+                int symbol = symbolOf(first(cell));
                 if (symbol < 0) {
                     return false;
                 }
                 literals |= 1L << symbol;
-                cell = heap.at(cell, REST);
+                cell = rest(cell);
             }
-            return heap.kindOf(cell) == EMPTY;
+            return isEmptyList(cell);
         }
 
         private boolean isLiteral(int symbol) {
@@ -2162,9 +1906,7 @@ public final class WindwardScheme {
 
         /** Whether a list begins with an ellipsis; the ellipsis of a pattern must be all of it. */
         private boolean isEllipsisAhead(int list, boolean isAll) {
-            return heap.kindOf(list) == PAIR
-                    && store.symbolOf(heap.at(list, FIRST)) == ELLIPSIS_SYMBOL
-                    && (!isAll || heap.at(list, REST) == EMPTY_CELL);
+            return isPair(list) && symbolOf(first(list)) == ELLIPSIS_SYMBOL && (!isAll || isEmptyList(rest(list)));
         }
 
         /** Whether a pattern is right; its variables come to the names that were there. */
@@ -2173,37 +1915,36 @@ public final class WindwardScheme {
                 return false;
             }
             int cell = pattern;
-            for (int i = 0; i < MAX_SIZE && heap.kindOf(cell) == PAIR; i++) {
-                if (!isRightPattern(heap.at(cell, FIRST), level + 1)) {
+            for (int i = 0; i < MAX_SIZE && isPair(cell); i++) {
+                if (!isRightPattern(first(cell), level + 1)) {
                     return false;
                 }
-                cell = heap.at(cell, REST);
+                cell = rest(cell);
                 if (isEllipsisAhead(cell, true)) {
                     return true;
                 }
             }
-            int symbol = store.symbolOf(cell);
+            int symbol = symbolOf(cell);
             if (!isVariable(symbol)) {
                 return symbol != ELLIPSIS_SYMBOL || isLiteral(symbol);
             }
-            boolean isNew = store.find(cell, names) == 0;
-            names = heap.make(LINK, 0, cell, names, 0);
+            boolean isNew = bindingOf(cell) == 0;
+            bind(cell, 0, 0);
             return isNew;
         }
 
         /** The first rule that fits a form; 0 if there is none. */
-        int fittingRule(int definition, int form, int scopeOfForm) {
-            if (!areLiterals(heap.at(definition, FIRST))) {
+        int fittingRule(int definition, int form) {
+            if (!areLiterals(first(definition))) {
                 return 0;
             }
-            scope = scopeOfForm;
-            int rules = heap.at(definition, REST);
-            for (int i = 0; i < MAX_SIZE && heap.kindOf(rules) == PAIR; i++) {
-                int rule = heap.at(rules, FIRST);
-                if (isMatch(heap.at(heap.at(rule, FIRST), REST), heap.at(form, REST), 0)) {
+            int rules = rest(definition);
+            for (int i = 0; i < MAX_SIZE && isPair(rules); i++) {
+                int rule = first(rules);
+                if (isMatch(rest(first(rule)), rest(form), 0)) {
                     return rule;
                 }
-                rules = heap.at(rules, REST);
+                rules = rest(rules);
             }
             return 0;
         }
@@ -2214,75 +1955,87 @@ public final class WindwardScheme {
             }
             int cell = pattern;
             int part = form;
-            for (int i = 0; i < MAX_SIZE && heap.kindOf(cell) == PAIR; i++) {
-                int item = heap.at(cell, FIRST);
-                cell = heap.at(cell, REST);
+            for (int i = 0; i < MAX_SIZE && isPair(cell); i++) {
+                int item = first(cell);
+                cell = rest(cell);
                 if (isEllipsisAhead(cell, true)) {
                     boolean isRight = true;
-                    for (int j = 0; j < MAX_SIZE && isRight && heap.kindOf(part) == PAIR; j++) {
-                        isRight = isMatch(item, heap.at(part, FIRST), level + 1);
-                        part = heap.at(part, REST);
+                    for (int j = 0; j < MAX_SIZE && isRight && isPair(part); j++) {
+                        isRight = isMatch(item, first(part), level + 1);
+                        part = rest(part);
                     }
-                    return isRight && heap.kindOf(part) == EMPTY;
+                    return isRight && isEmptyList(part);
                 }
-                if (heap.kindOf(part) != PAIR || !isMatch(item, heap.at(part, FIRST), level + 1)) {
+                if (!isPair(part) || !isMatch(item, first(part), level + 1)) {
                     return false;
                 }
-                part = heap.at(part, REST);
+                part = rest(part);
             }
             return isPlainMatch(cell, part);
         }
 
         /** Whether a pattern that is no pair matches. */
         private boolean isPlainMatch(int pattern, int part) {
-            int symbol = store.symbolOf(pattern);
+            int symbol = symbolOf(pattern);
             if (symbol < 0) {
-                return heap.areSame(pattern, part);
+                return part < FIRST_NODE && store.valueOf(datumOf(pattern)) == store.valueOf(datumOf(part));
             }
             if (symbol == BLANK_SYMBOL || !isLiteral(symbol)) {
                 return true;
             }
-            return store.symbolOf(part) == symbol && store.find(part, scope) == 0;
+            return symbolOf(part) == symbol && known(part) < 0;
         }
 
+        // ---- templates
+
         /** What the template of a rule that fits comes to, by a new mark; 0 if it is wrong. */
-        int outcomeOf(int rule, int form) {
-            mark++;
+        int outcomeOf(int rule, int form, int newMark) {
+            mark = newMark;
             size = 0;
-            bindings = 0;
-            bind(heap.at(heap.at(rule, FIRST), REST), heap.at(form, REST), 0, 0);
-            return build(heap.at(heap.at(rule, REST), FIRST), 0);
+            bound = 0;
+            rowCount = 0;
+            built = 0;
+            parts.reach(MOST_PARTS);
+            bindPattern(rest(first(rule)), rest(form), 0, 0);
+            int outcome = build(first(rest(rule)), 0);
+            return outcome != 0 && fits(outcome, MAX_MADE_DEPTH) ? outcome : 0;
+        }
+
+        private void bind(int name, int matched, int rowPattern) {
+            bindings.reach(bound + 1);
+            bindings.put(bound, name | (long) matched << TERM_BITS | (long) rowPattern << 2 * TERM_BITS);
+            bound++;
+        }
+
+        /** The newest binding of a variable; 0 if there is none. */
+        private long bindingOf(int name) {
+            for (int i = bound - 1; i >= 0; i--) {
+                long binding = bindings.get(i);
+                if (areSameNames((int) binding & TERM_MASK, name)) {
+                    return binding;
+                }
+            }
+            return 0;
         }
 
         /** Binds the variables of a pattern; below an ellipsis all of them to its list, with the pattern of its row. */
-        private void bind(int pattern, int form, int rowPattern, int level) {
+        private void bindPattern(int pattern, int form, int rowPattern, int level) {
             int cell = pattern;
             int part = form;
             boolean isRow = rowPattern != 0;
-            for (int i = 0; i < MAX_SIZE && heap.kindOf(cell) == PAIR && level <= MAX_LEVEL; i++) {
-                int item = heap.at(cell, FIRST);
-                cell = heap.at(cell, REST);
+            for (int i = 0; i < MAX_SIZE && level <= MAX_LEVEL && isPair(cell); i++) {
+                int item = first(cell);
+                cell = rest(cell);
                 if (isEllipsisAhead(cell, true)) {
-                    bind(item, part, isRow ? rowPattern : item, level + 1);
+                    bindPattern(item, part, isRow ? rowPattern : item, level + 1);
                     return;
                 }
-                bind(item, isRow ? form : heap.at(part, FIRST), rowPattern, level + 1);
-                part = isRow ? form : heap.at(part, REST);
+                bindPattern(item, isRow ? form : first(part), rowPattern, level + 1);
+                part = isRow ? form : rest(part);
             }
-            if (isVariable(store.symbolOf(cell))) {
-                bindings = heap.make(BINDING, rowPattern, cell, bindings, part);
+            if (isVariable(symbolOf(cell))) {
+                bind(cell, part, rowPattern);
             }
-        }
-
-        /** Gives back the cells of bindings or rows up to others; these others. */
-        private int released(int first, int outer) {
-            int cell = first;
-            for (int i = 0; i < MAX_CELLS && cell != outer && cell != 0; i++) {
-                int next = heap.at(cell, NEXT);
-                heap.release(cell);
-                cell = next;
-            }
-            return cell;
         }
 
         /** What a template comes to with the variables that are bound; 0 if it is wrong. */
@@ -2290,356 +2043,376 @@ public final class WindwardScheme {
             if (level > MAX_LEVEL) {
                 return 0;
             }
-            int parts = 0;
+            int bottom = built;
             int cell = template;
-            for (int i = 0; i < MAX_SIZE && heap.kindOf(cell) == PAIR; i++) {
-                int part = heap.at(cell, FIRST);
-                cell = heap.at(cell, REST);
+            boolean isRight = true;
+            for (int i = 0; i < MAX_SIZE && isRight && isPair(cell); i++) {
+                int part = first(cell);
+                cell = rest(cell);
                 if (isEllipsisAhead(cell, false)) {
-                    cell = heap.at(cell, REST);
-                    parts = buildRow(part, parts, level + 1);
+                    cell = rest(cell);
+                    isRight = buildRow(part, level + 1);
                 } else {
-                    parts = added(build(part, level + 1), parts);
-                }
-                if (parts < 0) {
-                    return 0;
+                    isRight = isAdded(build(part, level + 1));
                 }
             }
-            int whole = leaf(cell);
-            for (int i = 0; i < MAX_SIZE && parts != 0 && whole != 0; i++) {
-                whole = store.pairOf(heap.at(parts, ITEM), whole, MAX_MADE_DEPTH);
-                parts = heap.at(parts, NEXT);
+            int whole = isRight ? leaf(cell) : 0;
+            for (int i = built - 1; i >= bottom && whole != 0; i--) {
+                whole = newNode(pairNode((int) parts.get(i), whole));
             }
+            built = bottom;
             return whole;
         }
 
-        /** The parts with one more; -1 if it is wrong or there is too much of it. */
-        private int added(int part, int parts) {
+        /** Puts a part behind the others, if it is right and there is not too much of it. */
+        private boolean isAdded(int part) {
             size++;
-            return part == 0 || size > MAX_SIZE ? -1 : heap.make(LINK, 0, part, parts, 0);
+            boolean isRight = part != 0 && size <= MAX_SIZE;
+            if (isRight) {
+                addPart(part);
+            }
+            return isRight;
         }
 
         private int leaf(int cell) {
-            int made = cell;
-            if (store.isName(cell)) {
-                int binding = store.find(cell, bindings);
-                if (heap.noteOf(binding) != 0) {
-                    return 0;
-                }
-                made = binding != 0 ? heap.at(binding, EXTRA) : heap.makeShared(RENAMED, 0, cell, mark, 0);
+            int symbol = symbolOf(cell);
+            long binding = symbol < 0 ? 0 : bindingOf(cell);
+            if (binding >>> 2 * TERM_BITS != 0) {
+                return 0;
             }
-            size += store.measureOf(made) & SIZE_MASK;
+            int made = (int) (binding >>> TERM_BITS) & TERM_MASK;
+            if (binding == 0) {
+                made = symbol < 0 ? cell : newNode(nameNode(cell, mark, symbol));
+            }
+            size += sizeOf(made, 0);
             return size > MAX_SIZE ? 0 : made;
         }
 
-        /** The parts with those that a template comes to for the items of its rows; -1 if that is wrong. */
-        private int buildRow(int template, int before, int level) {
-            rows = 0;
-            areRowsEven = true;
-            addRows(template, level);
-            int mine = rows;
-            int count = areRowsEven ? rowLength : 0;
-            int outer = bindings;
-            int parts = mine == 0 || !areRowsEven ? -1 : before;
-            for (int i = 0; i < count && parts >= 0; i++) {
-                int row = mine;
-                for (int j = 0; j < MAX_SIZE && row != 0; j++) {
-                    int list = heap.at(row, EXTRA);
-                    bind(heap.at(row, ITEM), heap.at(list, FIRST), 0, 0);
-                    heap.put(row, EXTRA, heap.at(list, REST));
-                    row = heap.at(row, NEXT);
-                }
-                parts = added(build(template, level), parts);
-                bindings = released(bindings, outer);
+        private int sizeOf(int term, int level) {
+            int sum = 0;
+            int cell = term;
+            for (int i = 0; i <= MAX_SIZE && cell >= FIRST_NODE && level <= MAX_LEVEL && isPair(cell); i++) {
+                sum += 1 + sizeOf(first(cell), level + 1);
+                cell = rest(cell);
             }
-            released(mine, 0);
-            return parts;
+            return sum + (cell < FIRST_NODE ? store.sizeOf(datumOf(cell)) : 1);
         }
 
-        /** Puts the rows of the variables in a template ahead of the rows that were there. */
-        private void addRows(int template, int level) {
-            int cell = template;
-            for (int i = 0; i < MAX_SIZE && heap.kindOf(cell) == PAIR && level <= MAX_LEVEL; i++) {
-                addRows(heap.at(cell, FIRST), level + 1);
-                cell = heap.at(cell, REST);
+        /** Whether a term is not deeper than this. */
+        private boolean fits(int term, int depth) {
+            int cell = term;
+            for (int i = 0; i < MAX_SIZE && depth > 0 && isPair(cell); i++) {
+                if (!fits(first(cell), depth - 1)) {
+                    return false;
+                }
+                cell = rest(cell);
             }
-            int binding = store.isName(cell) ? store.find(cell, bindings) : 0;
-            int pattern = heap.noteOf(binding);
-            int list = heap.at(binding, EXTRA);
-            int row = pattern == 0 ? 0 : rows;
-            for (int i = 0; i < MAX_SIZE && row != 0; i++) {
-                if (heap.at(row, ITEM) == pattern && heap.at(row, EXTRA) == list) {
+            return depth > 0;
+        }
+
+        /** Adds the parts that a template comes to for the items of its rows; whether that is right. */
+        private boolean buildRow(int template, int level) {
+            int bottom = rowCount;
+            areRowsEven = true;
+            addRows(template, bottom, level);
+            int top = rowCount;
+            int count = areRowsEven ? rowLength : 0;
+            boolean isRight = top > bottom && areRowsEven;
+            int outer = bound;
+            for (int i = 0; i < count && isRight; i++) {
+                for (int row = bottom; row < top; row++) {
+                    long item = rows.get(row);
+                    int pattern = (int) item & TERM_MASK;
+                    int list = (int) (item >>> TERM_BITS);
+                    bindPattern(pattern, first(list), 0, 0);
+                    rows.put(row, pattern | (long) rest(list) << TERM_BITS);
+                }
+                isRight = isAdded(build(template, level));
+                bound = outer;
+            }
+            rowCount = bottom;
+            return isRight;
+        }
+
+        /** Adds the rows of the variables in a template to those that are there from a bottom on. */
+        private void addRows(int template, int bottom, int level) {
+            int cell = template;
+            for (int i = 0; i < MAX_SIZE && level <= MAX_LEVEL && isPair(cell); i++) {
+                addRows(first(cell), bottom, level + 1);
+                cell = rest(cell);
+            }
+            long binding = isName(cell) ? bindingOf(cell) : 0;
+            int pattern = (int) (binding >>> 2 * TERM_BITS);
+            int list = (int) (binding >>> TERM_BITS) & TERM_MASK;
+            long row = pattern | (long) list << TERM_BITS;
+            for (int i = bottom; i < rowCount && pattern != 0; i++) {
+                if (rows.get(i) == row) {
                     return;
                 }
-                row = heap.at(row, NEXT);
             }
             if (pattern != 0) {
-                int length = store.lengthOf(list);
-                areRowsEven = areRowsEven && (rows == 0 || rowLength == length);
+                int length = lengthOf(list);
+                areRowsEven = areRowsEven && (rowCount == bottom || rowLength == length);
                 rowLength = length;
-                rows = heap.make(BINDING, 0, pattern, rows, list);
+                rows.reach(rowCount + 1);
+                rows.put(rowCount, row);
+                rowCount++;
             }
         }
     }
 
     /** Makes the images of programs. The forms that are around the one at hand are a stack, one level for each. */
     private static final class Expander {
-        private static final int LEVELS = 104;
         private static final int WHOLE = 0;
-        private static final int MOST_PAGES = 8; // that a form takes
         private static final int OPENED = -1; // in place of a slot, as long as its parts are still to be expanded
+        private static final int MOST_SLOTS = 4096;
+        private static final int PROGRAM_SHIFT = 8; // of a mark
+        private static final int MARKED = 1 << 20; // in the note of a pair: there are marks in it
+        // What is known of a bound name: the variable, and how many environments there are with that of its lambda.
+        private static final int DEPTH_SHIFT = 12;
 
-        private final Heap heap;
         private final Store store;
         private final Macros macros;
         // What symbols meant when the program began.
-        private final Row meanings;
-        private final Row rules;
-        // For each level: the forms that are still to be expanded, the names that are bound there, what came out of a
-        // macro in place of the form at hand; what the forms belong to: the tag of a slot, and a kind of node with what it
-        // has ahead of its slots; and where their slots begin.
-        private final Row lists;
-        private final Row scopes;
-        private final Row outcomes;
-        private final Row kinds;
-        private final Row infos;
-        private final Row starts;
+        private final int[] meanings;
+        private final int[] rules;
+        // For each level: the forms that are still to be expanded, what came out of a macro in place of the form at hand; what
+        // the forms belong to: the tag of a slot, and a kind of node with what it has ahead of its slots; where their slots
+        // begin; how many names are bound around, how many environments there are, which lambda it is of.
+        private final int[] lists;
+        private final int[] outcomes;
+        private final int[] kinds;
+        private final int[] infos;
+        private final int[] starts;
+        private final int[] boundAround;
+        private final int[] depths;
+        private final int[] lambdas; // of environments: their levels
         private int level;
-        private final Row slots;
-        private int program;
-        private int anew; // pairs of a datum that were made anew
+        private final Area slots;
+        private int slotCount;
+        private final Area anew; // pairs of a datum that were made anew
+        private int anewCount;
+        private boolean isMarked;
         int used;
         char letter; // what was wrong
 
-        Expander(Heap heap, Store store) {
-            this.heap = heap;
+        Expander(Area room, Store store) {
             this.store = store;
-            macros = new Macros(heap, store);
-            meanings = new Row(SYMBOLS, SYMBOLS);
-            rules = heap.newRoots(SYMBOLS, SYMBOLS);
-            lists = heap.newRoots(LEVELS, LEVELS);
-            scopes = heap.newRoots(LEVELS, LEVELS);
-            outcomes = heap.newRoots(LEVELS, LEVELS);
-            kinds = new Row(LEVELS, LEVELS);
-            infos = new Row(LEVELS, LEVELS);
-            starts = new Row(LEVELS, LEVELS);
-            slots = new Row(16, MAX_ROW);
+            macros = new Macros(room, store);
+            meanings = new int[SYMBOLS];
+            rules = new int[SYMBOLS];
+            lists = new int[LEVELS];
+            outcomes = new int[LEVELS];
+            kinds = new int[LEVELS];
+            infos = new int[LEVELS];
+            starts = new int[LEVELS];
+            boundAround = new int[LEVELS];
+            depths = new int[LEVELS];
+            lambdas = new int[LEVELS];
+            slots = new Area(room, MOST_SLOTS);
+            anew = new Area(room, MOST_SLOTS);
         }
 
         /** Makes the image of a program; whether it is right. Then used tells how many expansions of macros there were. */
-        boolean expand(int number) {
-            program = number;
+        boolean expand(int program, boolean isBegun) {
             store.recallMeanings(program, meanings, rules);
             store.openImage(program);
             used = 0;
             letter = 'x';
             level = -1;
-            slots.used = 0;
-            openLevel(WHOLE, 0, EMPTY_CELL, 0);
-            outcomes.put(0, store.datumOf(program));
+            slotCount = 0;
+            openLevel(WHOLE, 0, 0);
+            put(outcomes, 0, store.datumOf(program) + 1);
             boolean isRight = true;
             for (int i = 0; i < MAX_STEPS && isRight && level >= 0; i++) {
                 int form = nextForm();
-                outcomes.put(level, form);
-                isRight = makeRoom(STEP + 4 * (store.measureOf(form) & SIZE_MASK));
-                outcomes.put(level, 0);
+                isRight = hasRoom();
                 int symbol = keywordOrMacro(form);
                 if (isRight && form == 0) {
                     closeLevel();
-                } else if (isRight && meanings.get(symbol) == MACRO) {
-                    int rule = macros.fittingRule(rules.get(symbol), form, scopes.get(level));
-                    outcomes.put(level, form);
-                    isRight = rule != 0 && used < MAX_EXPANSIONS && makeRoom(SLACK + 2 * cellsFor(rule));
+                } else if (isRight && at(meanings, symbol) == MACRO) {
+                    int rule = macros.fittingRule(at(rules, symbol), form);
+                    isRight = rule != 0 && used < MAX_EXPANSIONS;
                     used += isRight ? 1 : 0;
-                    outcomes.put(level, isRight ? macros.outcomeOf(rule, form) : 0);
-                    isRight = outcomes.get(level) != 0;
+                    int outcome = isRight ? macros.outcomeOf(rule, form, program << PROGRAM_SHIFT | used) : 0;
+                    put(outcomes, level, outcome);
+                    isRight = outcome != 0;
                 } else if (isRight) {
-                    int slot = symbol >= 0 ? keywordForm(symbol, form) : plainForm(form);
+                    int slot = symbol >= 0 ? keywordForm(symbol, form, isBegun) : plainForm(form);
                     isRight = slot != 0;
                     if (slot > 0) {
-                        slots.add(slot);
+                        addSlot(slot);
                     }
                 }
             }
-            lists.fillWithZeros();
-            scopes.fillWithZeros();
-            outcomes.fillWithZeros();
-            rules.fillWithZeros();
-            store.closeImage(isRight ? slots.get(0) : 0);
+            store.closeImage(isRight, isRight ? rootOf((int) slots.get(0)) : 0);
+            macros.giveUp();
+            slots.release();
+            anew.release();
             return isRight;
         }
 
-        /** As many cells as the variables of a rule are bound in at once: again below each ellipsis around. */
-        private int cellsFor(int rule) {
-            int pattern = heap.at(rule, FIRST);
-            int deepest = store.measureOf(pattern) >> DEPTH_SHIFT & DEPTH_MASK;
-            return names(pattern, false, 0) * (2 + Math.min(deepest, names(pattern, true, 0)));
+        /** The node that has the program as its body. */
+        private int rootOf(int slot) {
+            int place = store.emit(LAMBDA);
+            store.emit(0);
+            link(slot, SEQUENCE | ACTIVE | place + BODY_PLACE << SLOT_SHIFT, 0);
+            store.emit(0);
+            return place;
         }
 
-        /** How many names there are in a pattern, or just ellipses. */
-        private int names(int pattern, boolean areEllipses, int level) {
-            int count = 0;
-            int cell = pattern;
-            for (int i = 0; i < MAX_SIZE && heap.kindOf(cell) == PAIR && level <= MAX_LEVEL; i++) {
-                count += names(heap.at(cell, FIRST), areEllipses, level + 1);
-                cell = heap.at(cell, REST);
-            }
-            boolean isCounted = store.isName(cell) && (!areEllipses || store.symbolOf(cell) == ELLIPSIS_SYMBOL);
-            return isCounted ? count + 1 : count;
-        }
-
-        private boolean makeRoom(int cells) {
-            if (heap.freeCells < cells && !heap.makeRoom(cells, RESERVE / 2) || !store.hasPages(MOST_PAGES)) {
+        private boolean hasRoom() {
+            if (!store.makeRoom(BLOCKS_OF_FORM, -1)) {
                 letter = 'o';
             }
             return letter == 'x';
         }
 
-        private void openLevel(int kind, int info, int forms, int scope) {
+        private void addSlot(int slot) {
+            slots.reach(slotCount + 1);
+            slots.put(slotCount, slot);
+            slotCount++;
+        }
+
+        private void openLevel(int kind, int info, int forms) {
+            int environments = level < 0 ? 0 : at(depths, level);
             level++;
-            lists.put(level, forms);
-            scopes.put(level, scope);
-            outcomes.put(level, 0);
-            kinds.put(level, kind);
-            infos.put(level, info);
-            starts.put(level, slots.used);
+            put(lists, level, forms);
+            put(outcomes, level, 0);
+            put(kinds, level, kind);
+            put(infos, level, info);
+            put(starts, level, slotCount);
+            put(boundAround, level, macros.countOfScopes());
+            put(depths, level, environments);
         }
 
         /** Puts the slot of a form in place of those of its parts, which have all been expanded. */
         private void closeLevel() {
-            int kind = kinds.get(level);
-            int first = starts.get(level);
-            int last = slots.used;
+            int kind = at(kinds, level);
+            int first = at(starts, level);
+            int last = slotCount;
             if (level > 0) {
                 boolean isLambda = kind == nodeOf(LAMBDA);
-                int place = isLambda ? store.nextOffset() : beginNode();
-                int around = kind & TAG_MASK | place << SLOT_SHIFT;
-                int active = kind == CALL || kind == BRANCH || kind > OTHER ? ACTIVE : 0;
-                slots.used = first;
+                int place = isLambda ? store.nextOffset() : beginNode(last - first);
+                int active = isLambda ? 0 : ACTIVE;
+                int around = kind & TAG_MASK | ACTIVE | place << SLOT_SHIFT;
+                slotCount = first;
                 if ((kind & TAG_MASK) == OTHER) {
                     store.emit(kind >> SLOT_SHIFT);
-                    store.emit(infos.get(level));
+                    store.emit(at(infos, level));
                 }
                 if (isLambda) {
-                    around = SEQUENCE | place + BODY_PLACE << SLOT_SHIFT;
+                    around = SEQUENCE | ACTIVE | place + BODY_PLACE << SLOT_SHIFT;
+                    macros.leaveScopes(at(boundAround, level));
                 }
                 for (int i = first; i < last; i++) {
-                    active |= isLambda ? 0 : slots.get(i) & ACTIVE;
-                    link(slots.get(i), around, i - first);
+                    link((int) slots.get(i), around, i - first);
                 }
                 store.emit(0);
-                slots.add(kind & TAG_MASK | active | place << SLOT_SHIFT);
+                addSlot(kind & TAG_MASK | active | place << SLOT_SHIFT);
             }
-            lists.put(level, 0);
-            scopes.put(level, 0);
             level--;
         }
 
         /** Begins with slots or a node: ahead of them is place for what is around them. Where they are. */
-        private int beginNode() {
+        private int beginNode(int count) {
             store.emit(0);
-            return store.emit(0) + 1;
+            return store.emit(count << SLOTS_SHIFT) + 1;
         }
 
         /** Puts a slot into the image, and tells its node what is around it. */
         private void link(int slot, int around, int index) {
-            if ((slot & TAG_MASK) < OTHER || (slot & ACTIVE) != 0) {
-                store.patch((slot >>> SLOT_SHIFT) - 2, around);
-                store.patch((slot >>> SLOT_SHIFT) - 1, index);
+            if ((slot & ACTIVE) != 0) {
+                int header = (slot >>> SLOT_SHIFT) - 2;
+                store.patch(header, around);
+                store.addTo(header + 1, index);
             }
             store.emit(slot);
         }
 
         /** The next form of the level; 0 if there is none. */
         private int nextForm() {
-            int outcome = outcomes.get(level);
+            int outcome = at(outcomes, level);
             if (outcome != 0) {
-                outcomes.put(level, 0);
+                put(outcomes, level, 0);
                 return outcome;
             }
-            int list = lists.get(level);
-            if (heap.kindOf(list) != PAIR) {
+            int list = at(lists, level);
+            if (!macros.isPair(list)) {
                 return 0;
             }
-            lists.put(level, heap.at(list, REST));
-            return heap.at(list, FIRST);
+            put(lists, level, macros.rest(list));
+            return macros.first(list);
         }
 
         /** The symbol of the first part of a list, if it is a global name and a keyword or a macro; otherwise -1. */
         private int keywordOrMacro(int form) {
-            if (heap.kindOf(form) != PAIR || store.lengthOf(form) < 0) {
+            if (!macros.isPair(form) || macros.lengthOf(form) < 0) {
                 return -1;
             }
-            int head = heap.at(form, FIRST);
-            int symbol = store.find(head, scopes.get(level)) == 0 ? store.symbolOf(head) : -1;
-            int meaning = meanings.get(symbol);
+            int head = macros.first(form);
+            int symbol = macros.known(head) < 0 ? macros.symbolOf(head) : -1;
+            int meaning = at(meanings, symbol);
             return meaning == KEYWORD || meaning == MACRO ? symbol : -1;
         }
 
         /** The slot of a form without a keyword; 0 if it is wrong. */
         private int plainForm(int form) {
-            int formKind = heap.kindOf(form);
-            if (formKind == NUMBER || formKind == TRUTH) {
-                return CONSTANT | form << SLOT_SHIFT;
+            int datum = Macros.datumOf(form);
+            char letterOfForm = datum < 0 ? ' ' : letterOf(store.valueOf(datum));
+            if (letterOfForm == 'n' || letterOfForm == 't') {
+                return CONSTANT | datum << SLOT_SHIFT;
             }
-            if (formKind == PAIR && store.lengthOf(form) > 0) {
-                return around(CALL, 0, form, scopes.get(level));
+            if (macros.isPair(form)) {
+                return macros.lengthOf(form) > 0 ? around(CALL, 0, form) : 0;
             }
-            return store.isName(form) ? variable(form) : 0;
+            return macros.isName(form) ? variable(form) : 0;
         }
 
-        // A scope notes the place of its name among the parameters, and whether it is the last one of its lambda, so that
-        // the next one belongs to a lambda further out.
         private int variable(int name) {
-            int scope = scopes.get(level);
-            int bound = store.find(name, scope);
-            if (bound != 0) {
-                int depth = 0;
-                for (int i = 0; i < MAX_CELLS && scope != bound; i++) {
-                    depth += heap.noteOf(scope) & 1;
-                    scope = heap.at(scope, NEXT);
-                }
-                return LOCAL | heap.noteOf(bound) >> 1 << SLOT_SHIFT | depth << DEPTH_OUT_SHIFT;
+            int known = macros.known(name);
+            if (known >= 0) {
+                int depth = at(depths, level) - (known >> DEPTH_SHIFT);
+                return LOCAL | (known & VARIABLE_MASK) << SLOT_SHIFT | depth << DEPTH_OUT_SHIFT;
             }
-            int symbol = store.symbolOf(name);
-            int meaning = meanings.get(symbol);
+            int symbol = macros.symbolOf(name);
+            int meaning = at(meanings, symbol);
             return meaning == KEYWORD || meaning == MACRO ? 0 : GLOBAL | symbol << SLOT_SHIFT;
         }
 
         /** Begins with the forms in another one; 0 if they would be within too many others. */
-        private int around(int kind, int info, int forms, int scope) {
+        private int around(int kind, int info, int forms) {
             if (level >= MAX_FORMS_AROUND) {
                 return 0;
             }
-            openLevel(kind, info, forms, scope);
+            openLevel(kind, info, forms);
             return OPENED;
         }
 
-        private int keywordForm(int keyword, int form) {
-            int count = store.lengthOf(form) - 1;
-            int parts = heap.at(form, REST);
-            int scope = scopes.get(level);
-            int first = heap.at(parts, FIRST);
-            int behind = heap.at(parts, REST);
+        private int keywordForm(int keyword, int form, boolean isBegun) {
+            int count = macros.lengthOf(form) - 1;
+            int forms = macros.rest(form);
+            int first = macros.first(forms);
+            int behind = macros.rest(forms);
             boolean isWhole = level == 0;
             switch (keyword) {
                 case QUOTE_SYMBOL:
                     return count == 1 ? quoteForm(first) : 0;
                 case IF_SYMBOL:
-                    return count == 2 || count == 3 ? around(BRANCH, 0, parts, scope) : 0;
+                    return count == 2 || count == 3 ? around(BRANCH, 0, forms) : 0;
                 case LAMBDA_SYMBOL:
                     return count >= 2 ? lambdaForm(first, behind) : 0;
                 case DEFINE_SYMBOL:
-                    return count == 2 && isWhole && store.isName(first)
-                            ? around(nodeOf(DEFINITION), store.symbolOf(first), behind, scope)
+                    return count == 2 && isWhole && macros.isName(first)
+                            ? around(nodeOf(DEFINITION), macros.symbolOf(first), behind)
                             : 0;
                 case SET_SYMBOL:
-                    return count == 2 && store.isName(first) ? setForm(variable(first), behind) : 0;
+                    return count == 2 && macros.isName(first) ? setForm(first, behind) : 0;
                 case BEGIN_SYMBOL:
-                    return count >= 1 ? around(SEQUENCE, 0, parts, scope) : 0;
+                    return count >= 1 ? around(SEQUENCE, 0, forms) : 0;
                 default:
-                    return count >= 2 && isWhole && store.isName(first) && macros.areRules(behind)
-                            ? syntaxForm(store.symbolOf(first), behind)
+                    return count >= 2 && isWhole && macros.isName(first) && macros.areRules(behind)
+                            ? syntaxForm(macros.symbolOf(first), behind, isBegun)
                             : 0;
             }
         }
@@ -2649,1491 +2422,2302 @@ public final class WindwardScheme {
             return OTHER | kind << SLOT_SHIFT;
         }
 
-        private int syntaxForm(int symbol, int definition) {
-            store.setNewRules(program, definition);
+        private int syntaxForm(int symbol, int definition, boolean isBegun) {
+            if (isBegun) {
+                store.setNewRules(macros.keptTerm(definition, 0));
+            }
             int place = store.emit(SYNTAX);
             store.emit(symbol);
             return OTHER | place << SLOT_SHIFT;
         }
 
-        private int setForm(int variable, int forms) {
+        private int setForm(int name, int forms) {
+            int variable = variable(name);
+            int known = macros.known(name);
             if (variable == 0) {
                 return 0;
             }
-            boolean isLocal = (variable & TAG_MASK) == LOCAL;
-            return isLocal
-                    ? around(nodeOf(SET_LOCAL), variable, forms, scopes.get(level))
-                    : around(nodeOf(SET_GLOBAL), variable >>> SLOT_SHIFT, forms, scopes.get(level));
+            if (known >= 0) {
+                int lambda = at(lambdas, known >> DEPTH_SHIFT);
+                int sets = 1 << SETS_SHIFT + (known & REST - 1) % SETS_BITS;
+                put(infos, lambda, at(infos, lambda) | sets);
+                return around(nodeOf(SET_LOCAL), variable, forms);
+            }
+            return around(nodeOf(SET_GLOBAL), variable >>> SLOT_SHIFT, forms);
         }
 
         private int lambdaForm(int parameters, int body) {
-            int names = 0;
+            int before = macros.countOfScopes();
+            int depth = at(depths, level) + 1;
             int count = 0;
             int cell = parameters;
-            for (int i = 0; i < MAX_SIZE && heap.kindOf(cell) == PAIR; i++) {
-                int name = heap.at(cell, FIRST);
-                if (!store.isName(name) || store.find(name, names) != 0) {
+            for (int i = 0; i < MAX_SIZE && macros.isPair(cell); i++) {
+                if (!isBoundAnew(macros.first(cell), count, depth)) {
                     return 0;
                 }
-                names = heap.make(LINK, 0, name, names, 0);
                 count++;
-                cell = heap.at(cell, REST);
+                cell = macros.rest(cell);
             }
-            boolean hasRest = store.isName(cell);
-            if (hasRest ? store.find(cell, names) != 0 : heap.kindOf(cell) != EMPTY) {
+            boolean hasRest = macros.isName(cell);
+            if (hasRest ? !isBoundAnew(cell, count | REST, depth) : !macros.isEmptyList(cell)) {
                 return 0;
             }
-            int outer = scopes.get(level);
-            int scope = hasRest ? heap.make(SCOPE, count << 1 | 1, cell, outer, 0) : outer;
-            for (int i = count - 1; i >= 0; i--) {
-                scope = heap.make(SCOPE, i << 1 | (scope == outer ? 1 : 0), heap.at(names, ITEM), scope, 0);
-                names = heap.at(names, NEXT);
+            int opened = around(nodeOf(LAMBDA), count << 1 | (hasRest ? 1 : 0), body);
+            if (opened != 0) {
+                put(boundAround, level, before);
+                if (macros.countOfScopes() > before) {
+                    put(depths, level, depth);
+                    put(lambdas, depth, level);
+                }
             }
-            return around(nodeOf(LAMBDA), count << 1 | (hasRest ? 1 : 0), body, scope);
+            return opened;
         }
+
+        /** Binds a parameter, if it is a name and none of the same lambda. */
+        private boolean isBoundAnew(int name, int place, int depth) {
+            int known = macros.known(name);
+            if (!macros.isName(name) || known >= 0 && known >> DEPTH_SHIFT == depth) {
+                return false;
+            }
+            macros.bindName(name, place | depth << DEPTH_SHIFT);
+            return true;
+        }
+
+        // ---- quoted data
 
         /** The slot of a quoted datum with all marks taken off; each pair with a mark in it is made anew once. */
         private int quoteForm(int datum) {
-            anew = 0;
+            anewCount = 0;
+            isMarked = false;
             int plain = plainOf(datum, 0);
-            for (int i = 0; i < MAX_SIZE && anew != 0; i++) {
-                heap.setNote(heap.at(anew, ITEM), 0);
-                anew = heap.at(anew, NEXT);
+            for (int i = 0; i < anewCount; i++) {
+                macros.setNote((int) anew.get(i), 0);
             }
-            if ((plain & 1) == 0) {
-                return QUOTATION | plain >>> 1 << SLOT_SHIFT;
-            }
-            int place = store.emit(QUOTE);
-            store.emit(plain >>> 1);
-            return OTHER | place << SLOT_SHIFT;
+            return QUOTATION | plain << SLOT_SHIFT;
         }
 
         /**
-         * A datum in the image: twice a cell, or twice the offset of a pair and 1. A pair that was laid stays as it is; one
-         * that a macro made is put into the image, and bears a note of where it is: up to the end of the form if there are
-         * marks in it, otherwise up to the end of the program.
+         * A datum in the image. A pair that was laid stays as it is; one that a macro made is put into the image, and bears a
+         * note of where it is: up to the end of the form if there are marks in it, otherwise up to the end of the program.
          */
         private int plainOf(int datum, int depth) {
-            int pairs = 0;
+            int bottom = slotCount;
             int cell = datum;
-            for (int i = 0; i < MAX_SIZE && isToBePut(cell); i++) {
-                pairs = heap.make(LINK, 0, cell, pairs, 0);
-                cell = heap.at(cell, REST);
+            for (int i = 0; i < MAX_SIZE && macros.isPair(cell) && Macros.datumOf(cell) < 0 && macros.noteOf(cell) == 0; i++) {
+                addSlot(cell);
+                cell = macros.rest(cell);
             }
-            int plain = cell << 1;
-            if (heap.kindOf(cell) == RENAMED) {
-                plain = FIRST_SYMBOL_CELL + store.symbolOf(cell) << 1;
-            } else if (heap.kindOf(cell) == PAIR && heap.noteOf(cell) != 0) {
-                plain = heap.noteOf(cell) << 1 | 1;
+            int plain = Macros.datumOf(cell) << Store.DATUM_BITS;
+            isMarked = false;
+            if (macros.isRenamed(cell)) {
+                plain = macros.symbolOf(cell) << Store.DATUM_BITS | Store.SYMBOL_DATUM;
+                isMarked = true;
+            } else if (macros.noteOf(cell) != 0) {
+                plain = (macros.noteOf(cell) & OFFSET_MASK) << Store.DATUM_BITS | Store.PAIR_DATUM;
+                isMarked = (macros.noteOf(cell) & MARKED) != 0;
             }
-            for (int i = 0; i < MAX_SIZE && pairs != 0 && depth <= MAX_LEVEL; i++) {
-                int old = heap.at(pairs, ITEM);
-                int first = plainOf(heap.at(old, FIRST), depth + 1);
+            for (int i = slotCount - 1; i >= bottom && depth <= MAX_LEVEL; i--) {
+                int old = (int) slots.get(i);
+                boolean isRestMarked = isMarked;
+                int first = plainOf(macros.first(old), depth + 1);
+                isMarked = isMarked || isRestMarked;
                 int place = store.emit(first);
                 store.emit(plain);
-                plain = place << 1 | 1;
-                heap.setNote(old, place);
-                if ((heap.at(old, MEASURE) & RENAMED_INSIDE) != 0) {
-                    anew = heap.make(LINK, 0, old, anew, 0);
+                plain = place << Store.DATUM_BITS | Store.PAIR_DATUM;
+                macros.setNote(old, place | (isMarked ? MARKED : 0));
+                if (isMarked) {
+                    addAnew(old);
                 }
-                pairs = heap.at(pairs, NEXT);
             }
+            slotCount = bottom;
             return plain;
         }
 
-        private boolean isToBePut(int cell) {
-            return heap.kindOf(cell) == PAIR && (heap.at(cell, HEAD) & KEPT) == 0 && heap.noteOf(cell) == 0;
+        private void addAnew(int pair) {
+            anew.reach(anewCount + 1);
+            anew.put(anewCount, pair);
+            anewCount++;
         }
     }
 
     /**
-     * Rows of values, the lists that are made of them, and what is known of the body at hand.
+     * What was evaluated, in intervals from one application to the next, and the log of all else that applications made.
      *
      * <p>A run can hold thousands of values ahead of each of its applications, more than there is room for. So they are not
-     * held, but the episode in which they came about: what is evaluated from where a body begins, or goes on with a value,
-     * up to the next application. An episode takes one cell, whatever comes about in it; what a part of it came to is told
-     * by the code at its place, with the variables as they were then, and is looked for when it is wanted (see Body).
+     * held, but what they can be found by. An interval begins where a body begins (it is the activation of that body then,
+     * and the environment of its variables), or where a value is given to what waits; it goes on through the rest of that
+     * body, then perhaps through what waited behind it, body by body, up to the next application. So its segments are the
+     * START, the ones PASSED through, and the END, which may be the only one. What was evaluated in a segment is told by
+     * the code, what its tests came to, and the variables as they were then. What waits is named by the interval in the END
+     * of which it began to wait; other things that wait are in the log, and named by their place and SPECIAL.
      *
-     * <p>A row is one value, which is its own row; ITEMS, a few values; an episode, whose values are found by their places
-     * in code; JOINED, those of a row up to a height, and others from there on; ARGUMENTS, the arguments of a call; LISTED,
-     * the parts of a list.
+     * <p>An interval takes some words of a table: kind, code and what is behind its body; environment around, place where it
+     * ended, what waited for the value that its END went on with, flags; activation of its END, extras, a few tests; that
+     * value; and a mask of the variables that were set in it. Extras are in the log, where they are wanted.
      */
-    private static final class Values {
-        // Values that are held as they are, if they take no more cells than this.
-        private static final int MOST_PLAIN = 3;
-        private static final int MOST_CELLS = 2;
-        private static final int MOST_TESTS = 61;
-        private static final int NEAR = 48; // places of a row that are not looked for again and again
-        private static final int MOST_STAMPS = 1500000000;
-        private static final int BUCKET_BITS = 12;
-        private static final int MAX_BUCKETS = 1 << 19;
-        private static final int GLOBAL_DEPTH = 127;
-        private static final int TEST_DEPTH = 126;
-        private static final int DEPTH_BITS = 7;
-        private static final int WAY = 4;
-        private static final int WAYS = 4096;
-        private static final int WAYS_SHIFT = 20;
-        private static final int NO_LENGTH = -1;
-        private static final int UNKNOWN_LENGTH = -2;
-        static final int NONE = -1;
+    private static final class History {
+        static final int END = 0;
+        static final int START = 1;
+        static final int PASSED = 2;
+        static final int SPECIAL = 1 << INTERVAL_BITS;
+        static final int MOST_INTERVALS = (1 << INTERVAL_BITS) - 2;
+        static final int UNKNOWN_TEST = -1;
+        private static final int WORDS = 5;
+        private static final int CODE_SHIFT = 4;
+        private static final int BEHIND_SHIFT = 34;
+        private static final int SETS_PLACE = 58; // which of its variables are set somewhere
+        private static final int BEGUN = 1;
+        private static final int HAS_VARIABLES = 2;
+        private static final int PLACE_SHIFT = 18;
+        private static final int WAITED_SHIFT = 38;
+        private static final int FLAG_SHIFT = 56;
+        static final int START_SET = 1; // variables were set in the START, in others that were passed, in the END
+        static final int PASSED_SET = 2;
+        static final int END_SET = 4;
+        static final int STOPPED = 8; // the interval ended with an error ahead of what is at its place
+        static final int DROPPING = 16; // the value that is waited for at its end is dropped
+        private static final int EXTRA_SHIFT = 18;
+        private static final int TESTS_SHIFT = 42;
+        private static final int FEW_TESTS = 21;
+        // Extras: their type, the next one, a number; and words behind that.
+        static final int LIST_EXTRA = 1; // arguments: how many, the list of them
+        static final int ONE_EXTRA = 2; // the only argument
+        static final int COUNT_EXTRA = 3; // how many arguments there are
+        static final int ARGUMENTS_EXTRA = 4; // how many arguments there are, all of them
+        static final int SETTINGS_EXTRA = 5; // how many variables were set; each with its value, all of them
+        static final int FILTER_EXTRA = 9; // where the filter is of the variables that were set
+        private static final int START_EXTRA = 6; // tests of the START
+        private static final int PASSED_EXTRA = 7; // tests of those passed from the first with settings; that one, its value
+        private static final int END_EXTRA = 8; // tests of the END
+        private static final int TYPE_BITS = 4;
+        private static final int INFO_SHIFT = 28;
+        private static final int BITS_OF_NODE = 40;
+        private static final int MOST_TESTS = 1 << 17;
+        private static final int NO_TESTS = (1 << 18) - 1; // in place of their number: they are not known
+        private static final int NODES = 16384;
+        private static final int NODES_SHIFT = 18;
+        // Words of the log that may be taken by what can be found without them: for each interval, and besides.
+        private static final int SPARE_OF_INTERVAL = 9;
+        private static final int SPARE = 300000;
 
-        private final Heap heap;
-        private final Store store;
-        int stamps;
-        // What must be found before a value that was looked for is there: the part of an episode at a place, or the variable
-        // of an environment, of which the place is then ~; or minus the number of a program that must be expanded; or 0.
-        int wanted;
-        int wantedPlace;
-        boolean isGlobalSeen; // an episode was made that may look at the newest version of global variables
-        int built; // the row of what waits in the body at hand, and of the arguments above; 0 if it is not made
-        private final Row gathered;
-        // The body at hand: the row that is below its values, and for each episode of it at what height its values begin,
-        // where it began, the value it went on with, its stamp, its cell if there is one, and what its tests came to (two
-        // numbers); program and slot of the body.
-        private final Row base;
-        private final Row begins;
-        private final Row paths;
-        private final Row gifts;
-        private final Row times;
-        private final Row episodes;
-        private final Row testsOfBody;
-        private final Row begun;
-        final Row stack;
-        // What was found on the way through code: the code, the key, the limit, a place.
-        private final Row ways;
-        private int waysCollections;
+        private final Area table;
+        final Area log;
+        private int end; // of the log
+        private final int[] nodes; // of tests: where one with such bits is
+        // The interval at hand.
+        int now;
+        boolean isOpen;
+        private int act;
+        private int waited;
+        private long gift;
+        private int flags; // END_SET is for the segment at hand
+        private int extras;
+        private final Area tests; // of the segment at hand
+        private int testCount;
+        private long few; // tests behind a 1, if they are few; otherwise 0
+        private final Area passedTests;
+        private int passedCount;
+        private int firstPassed;
+        private long firstGift;
+        private final Area loaded; // tests that were looked at last
+        private long loadedKey;
 
-        Values(Heap heap, Store store) {
-            this.heap = heap;
-            this.store = store;
-            gathered = heap.newRoots(MOST_PLAIN + 1, MOST_PLAIN + 1);
-            base = heap.newRoots(1, 1);
-            begins = new Row(16, MAX_ROW);
-            paths = heap.newRoots(16, MAX_ROW);
-            gifts = heap.newRoots(16, MAX_ROW);
-            times = new Row(16, MAX_ROW);
-            episodes = heap.newRoots(16, MAX_ROW);
-            testsOfBody = new Row(16, 2 * MAX_ROW);
-            begun = new Row(2, 2);
-            stack = heap.newRoots(16, MAX_ROW);
-            stack.used = 0;
-            ways = new Row(WAY, WAY * WAYS);
-            forgetBody();
+        History(Area room) {
+            table = new Area(room, MOST_BLOCKS);
+            log = new Area(room, MOST_BLOCKS);
+            tests = new Area(room, MOST_BLOCKS);
+            passedTests = new Area(room, MOST_BLOCKS);
+            loaded = new Area(room, MOST_BLOCKS);
+            nodes = new int[NODES];
+            end = 1;
         }
 
-        int nextStamp() {
-            stamps++;
-            return stamps;
+        // ---- room
+
+        /** How many blocks are missing for so many words of the log, and the next interval. */
+        int blocksFor(int words) {
+            int most = words + (testCount + passedCount) / BITS_OF_NODE;
+            int ofLog = end + most - log.words() + BLOCK_MASK >> BLOCK_BITS;
+            int ofTable = (now + 2) * WORDS - table.words() + BLOCK_MASK >> BLOCK_BITS;
+            return Math.max(0, ofLog) + Math.max(0, ofTable);
         }
 
-        boolean areStampsLarge() {
-            return stamps >= MOST_STAMPS;
+        int blocks() {
+            return log.countOfBlocks() + table.countOfBlocks();
         }
 
-        /** Lets stamps be smaller numbers in the same order: they are left out by the thousand where no cell bears one. */
-        void renumber() {
-            Row seen = new Row(MAX_BUCKETS / 32, 0);
-            Row ranks = new Row(MAX_BUCKETS / 32, 0);
-            see(seen, 0);
-            see(seen, stamps);
-            for (int i = 0; i < begins.used; i++) {
-                see(seen, times.get(i));
+        void take(int words) {
+            log.reach(end + words + (testCount + passedCount) / BITS_OF_NODE);
+            table.reach((now + 2) * WORDS);
+        }
+
+        /** Whether there is room for what need not be held. */
+        boolean isRoomy() {
+            return end < SPARE + SPARE_OF_INTERVAL * now;
+        }
+
+        // ---- the log
+
+        long word(int place) {
+            return log.get(place);
+        }
+
+        /** Puts a word behind the log; where it is. */
+        int add(long word) {
+            log.put(end, word);
+            end++;
+            return end - 1;
+        }
+
+        int addTwo(long word, long other) {
+            log.put(end, word);
+            log.put(end + 1, other);
+            end += 2;
+            return end - 2;
+        }
+
+        void addExtra(int type, long info) {
+            log.put(end, type | (long) extras << TYPE_BITS | info << INFO_SHIFT);
+            extras = end;
+            end++;
+        }
+
+        // ---- the interval at hand
+
+        /** Begins with the body of a procedure, or a program. */
+        void openBody(int code, int behind, int around, boolean hasVariables, int sets) {
+            long head = BEGUN | (hasVariables ? HAS_VARIABLES : 0) | (long) sets << SETS_PLACE;
+            open(head | (long) code << CODE_SHIFT | (long) behind << BEHIND_SHIFT, around);
+            act = now;
+        }
+
+        private void open(long head, int around) {
+            now++;
+            table.put(now * WORDS, head);
+            table.put(now * WORDS + 1, around);
+            isOpen = true;
+            waited = 0;
+            gift = 0;
+            flags = 0;
+            extras = 0;
+            testCount = 0;
+            few = 1;
+            firstPassed = 0;
+            passedCount = 0;
+        }
+
+        /** Begins with what waits, and a value that is given to it. */
+        void openWith(int frame, long given) {
+            act = actOf(frame, END);
+            open(0, 0);
+            waited = frame;
+            gift = given;
+        }
+
+        /** Goes on with what waits, and a value that is given to it. */
+        void resume(int frame, long given) {
+            if (!isOpen) {
+                openWith(frame, given);
+                return;
             }
-            for (int cell = 1; cell < heap.cells(); cell++) {
-                see(seen, hasStamp(cell) ? heap.at(cell, STAMP) : 0);
+            passOn();
+            act = actOf(frame, END);
+            waited = frame;
+            gift = given;
+            testCount = 0;
+            few = 1;
+        }
+
+        /** Lets the segment at hand be one that was passed, or the START. */
+        private void passOn() {
+            boolean isSet = (flags & END_SET) != 0;
+            flags &= ~END_SET;
+            if (waited == 0 && isSet) {
+                flags |= START_SET;
+                addTests(START_EXTRA, tests, testCount);
             }
-            for (int i = 1; i < MAX_BUCKETS / 32; i++) {
-                ranks.put(i, ranks.get(i - 1) + Integer.bitCount(seen.get(i - 1)));
+            if (waited == 0) {
+                return;
             }
-            for (int cell = 1; cell < heap.cells(); cell++) {
-                if (hasStamp(cell)) {
-                    heap.put(cell, STAMP, renumbered(seen, ranks, heap.at(cell, STAMP)));
+            if (isSet && (flags & PASSED_SET) == 0) {
+                flags |= PASSED_SET;
+                firstPassed = waited;
+                firstGift = gift;
+                passedCount = 0;
+            }
+            if ((flags & PASSED_SET) != 0) {
+                for (int i = 0; i < testCount && passedCount <= MOST_TESTS; i++) {
+                    putBit(passedTests, passedCount, bit(tests, i));
+                    passedCount++;
                 }
+                passedCount = testCount > MOST_TESTS ? MOST_TESTS + 1 : passedCount;
             }
-            for (int i = 0; i < begins.used; i++) {
-                times.put(i, renumbered(seen, ranks, times.get(i)));
+        }
+
+        /** Ends the interval at hand, at a place. */
+        void close(int place, int moreFlags) {
+            flags |= moreFlags;
+            if (few == 0) {
+                addTests(END_EXTRA, tests, testCount);
             }
-            stamps = renumbered(seen, ranks, stamps);
-        }
-
-        private boolean hasStamp(int cell) {
-            int cellKind = heap.kindOf(cell);
-            boolean isOfVersion = cellKind >= SETTING && cellKind <= GROUP_SETTINGS && cellKind != GROUP;
-            boolean isOfEpisode = cellKind == BEGUN || cellKind == RESUMED;
-            return isOfVersion || isOfEpisode || cellKind == CLOSURE || cellKind == VIEW || cellKind == QUOTED;
-        }
-
-        private static void see(Row seen, int stamp) {
-            int bucket = stamp >> BUCKET_BITS;
-            seen.put(bucket >> 5, seen.get(bucket >> 5) | 1 << (bucket & 31));
-        }
-
-        private static int renumbered(Row seen, Row ranks, int stamp) {
-            int bucket = stamp >> BUCKET_BITS;
-            int ahead = seen.get(bucket >> 5) & (1 << (bucket & 31)) - 1;
-            int rank = ranks.get(bucket >> 5) + Integer.bitCount(ahead);
-            return rank << BUCKET_BITS | stamp & (1 << BUCKET_BITS) - 1;
-        }
-
-        // ---- what episodes came to
-
-        boolean isEpisode(int cell) {
-            int cellKind = heap.kindOf(cell);
-            return cellKind == BEGUN || cellKind == RESUMED;
-        }
-
-        int programOf(int episode) {
-            int note = heap.noteOf(episode);
-            return heap.kindOf(episode) == BEGUN ? note & PROGRAM_MASK : heap.noteOf(note);
-        }
-
-        /**
-         * What a test of an episode came to, by how many of its tests were ahead of it: 1 or 0; -1 if that is not known. They
-         * stand behind a 1, the last one in the lowest bit.
-         */
-        int testOf(int episode, int index) {
-            int gift = heap.at(episode, ITEM);
-            boolean isBegun = heap.kindOf(episode) == BEGUN;
-            long tests = isBegun ? heap.noteOf(episode) >>> PROGRAM_BITS : 0;
-            if (!isBegun && heap.kindOf(gift) == TESTS) {
-                tests = heap.at(gift, 2) & LOW_WORD | (long) heap.at(gift, 3) << 32;
+            if ((flags & PASSED_SET) != 0) {
+                addTests(PASSED_EXTRA, passedTests, passedCount);
+                add(firstPassed);
+                add(firstGift);
             }
-            int count = 0;
-            for (int i = 1; i < 63 && tests >>> i != 0; i++) {
-                count++;
-            }
-            return index < count ? (int) (tests >>> count - 1 - index) & 1 : -1;
+            int base = now * WORDS;
+            long around = table.get(base + 1) & INTERVAL_MASK;
+            long ended = (long) place << PLACE_SHIFT | (long) waited << WAITED_SHIFT | (long) flags << FLAG_SHIFT;
+            table.put(base + 1, around | ended);
+            table.put(base + 2, act | (long) extras << EXTRA_SHIFT | few << TESTS_SHIFT);
+            table.put(base + 3, gift);
+            isOpen = false;
         }
 
-        /** Notes what a test of the episode at hand came to; if they are too many, none is known. */
+        void noteSetting() {
+            flags |= END_SET;
+        }
+
+        int actNow() {
+            return act;
+        }
+
+        // ---- tests
+
         void noteTest(boolean holds) {
-            int index = 2 * (begins.used - 1);
-            long tests = testsOfBody.get(index) & LOW_WORD | (long) testsOfBody.get(index + 1) << 32;
-            tests = tests >>> MOST_TESTS != 0 ? 0 : 2 * tests + (holds && tests != 0 ? 1 : 0);
-            testsOfBody.put(index, (int) tests);
-            testsOfBody.put(index + 1, (int) (tests >>> 32));
+            if (testCount < MOST_TESTS) {
+                putBit(tests, testCount, holds ? 1 : 0);
+            }
+            few = testCount < FEW_TESTS ? few << 1 | (holds ? 1 : 0) : 0;
+            testCount = Math.min(testCount + 1, MOST_TESTS + 1);
         }
 
-        /** The place of a part of a form. */
-        static int placeOfPart(int slot, int index) {
-            return (slot >>> SLOT_SHIFT) + ((slot & TAG_MASK) == OTHER ? 2 : index);
+        private static int bit(Area row, int index) {
+            return (int) (row.get(index >> 6) >>> (index & 63)) & 1;
         }
 
-        /**
-         * What a part of an episode came to, if that is known, or told by its slot alone. If not, it is 0, and a program may
-         * be wanted.
-         */
-        int simplePart(int episode, int place) {
-            boolean isBegun = heap.kindOf(episode) == BEGUN;
-            int note = heap.noteOf(episode);
-            int program = isBegun ? note & PROGRAM_MASK : heap.noteOf(note);
-            if (!store.isLoaded(program)) {
-                wanted = -program;
-                return 0;
+        private static void putBit(Area row, int index, int bit) {
+            int place = index >> 6;
+            if ((index & 63) == 0) {
+                row.reach(place + 1);
+                row.put(place, 0);
             }
-            if (!isBegun && place == placeOfPart(heap.at(note, ITEM), heap.at(note, NEXT))) {
-                int gift = heap.at(episode, ITEM);
-                return heap.kindOf(gift) == TESTS ? heap.at(gift, ITEM) : gift;
-            }
-            int slot = store.word(program, place);
-            int content = slot >>> SLOT_SHIFT;
-            switch (slot & TAG_MASK) {
-                case CONSTANT:
-                case QUOTATION:
-                    return content;
-                case OTHER:
-                    int info = store.word(program, content + 1);
-                    switch (store.word(program, content)) {
-                        case LAMBDA:
-                            int address = program << OFFSET_BITS | content;
-                            return heap.make(CLOSURE, info, address, heap.at(episode, AROUND), heap.at(episode, STAMP));
-                        case QUOTE:
-                            return heap.make(QUOTED, 0, program << OFFSET_BITS | info, 0, 0);
-                        default:
-                            return NOTHING_CELL;
-                    }
-                default:
-                    return heap.known(episode, place);
-            }
+            long word = row.get(place) & ~(1L << (index & 63));
+            row.put(place, word | (long) bit << (index & 63));
         }
 
-        private void want(int cell, int place) {
-            if (wanted == 0) {
-                wanted = cell;
-                wantedPlace = place;
-            }
-        }
-
-        /** What a variable of an environment is, if that is known; 0 if it must be looked for. */
-        int knownVariable(int environment, int place) {
-            int value = heap.known(environment, ~place);
-            if (value == 0) {
-                want(environment, ~place);
-            }
-            return value;
-        }
-
-        // ---- what was found in the code of episodes
-
-        /**
-         * By what an episode is known that takes the same way through the same code as others: its tests, which variable is
-         * looked for, or which test, if the target is -1; 0 if that is not known, NONE if the variable is not seen in it.
-         */
-        private int keyOfWay(int episode, int target, int place) {
-            int gift = heap.at(episode, ITEM);
-            int tests = 1;
-            if (heap.kindOf(episode) == BEGUN) {
-                tests = heap.noteOf(episode) >>> PROGRAM_BITS;
-            } else if (heap.kindOf(gift) == TESTS) {
-                boolean isShort = heap.at(gift, 3) == 0 && heap.at(gift, 2) >>> NOTE_BITS - PROGRAM_BITS == 0;
-                tests = isShort ? heap.at(gift, 2) : 0;
-            }
-            int around = heap.at(episode, AROUND);
-            int depth = target == 0 ? GLOBAL_DEPTH : target < 0 ? TEST_DEPTH : 0;
-            for (int i = 0; i < MAX_LEVEL && target > 0 && around != target; i++) {
-                if (around == 0) {
-                    return NONE;
+        /** Puts tests into an extra. They are rows of nodes, each of which knows the one ahead, and some bits behind them. */
+        private void addTests(int type, Area row, int count) {
+            int node = 0;
+            long bits = 0;
+            int bitsHere = 0;
+            boolean isKnown = count <= MOST_TESTS;
+            for (int i = 0; i < count && isKnown; i++) {
+                bits |= (long) bit(row, i) << bitsHere;
+                bitsHere++;
+                if (bitsHere == BITS_OF_NODE) {
+                    node = nodeOf(node | bits << LINK_BITS);
+                    isKnown = node != 0;
+                    bits = 0;
+                    bitsHere = 0;
                 }
-                around = heap.at(around, NEXT);
-                depth++;
             }
-            return tests == 0 ? 0 : (tests << DEPTH_BITS | depth) << COUNT_BITS | place;
+            addExtra(type, isKnown ? count : NO_TESTS);
+            add(node | bits << LINK_BITS);
         }
 
-        private int codeOf(int episode) {
-            int note = heap.noteOf(episode);
-            boolean isBegun = heap.kindOf(episode) == BEGUN;
-            return isBegun ? (note & PROGRAM_MASK) << OFFSET_BITS | heap.at(episode, ITEM) >>> SLOT_SHIFT : ~note;
-        }
-
-        private static int wayOf(int code, int key, int limit) {
-            return WAY * ((code * 0x9E3779B1 + key * 0x7FEB352D + limit * 0x2C1B3C6D) * 0x85EBCA6B >>> WAYS_SHIFT);
-        }
-
-        /**
-         * The place of what an episode set a variable to at last, ahead of a limit or its end, or of what is chosen by a test;
-         * NONE if it did not set it; 0 if that is not known.
-         */
-        int knownOnWay(int episode, int target, int place, int limit) {
-            int key = keyOfWay(episode, target, place);
-            int code = codeOf(episode);
-            int way = wayOf(code, key, limit);
-            boolean isKnown = waysCollections == heap.collections
-                    && ways.get(way) == code && ways.get(way + 1) == key && ways.get(way + 2) == limit;
-            return key == NONE ? NONE : key != 0 && isKnown ? ways.get(way + 3) : 0;
-        }
-
-        /** Keeps what was found on the way through an episode. */
-        void knowOnWay(int episode, int target, int place, int limit, int found) {
-            int key = keyOfWay(episode, target, place);
-            int code = codeOf(episode);
-            int way = wayOf(code, key, limit);
-            if (waysCollections != heap.collections) {
-                ways.fillWithZeros();
-                waysCollections = heap.collections;
+        /** Where such a node is; it is made if that is not known. 0 if there is no room for it. */
+        private int nodeOf(long word) {
+            int hash = ((int) word * 0x9E3779B1 + (int) (word >>> 32) * 0x7FEB352D) * 0x85EBCA6B >>> NODES_SHIFT;
+            int node = at(nodes, hash);
+            if (node != 0 && log.get(node) == word) {
+                return node;
             }
-            if (key > 0) {
-                ways.put(way, code);
-                ways.put(way + 1, key);
-                ways.put(way + 2, limit);
-                ways.put(way + 3, found);
+            node = 0;
+            if (isRoomy()) {
+                node = end;
+                log.put(end, word);
+                end++;
+                put(nodes, hash, node);
             }
+            return node;
         }
 
-        /** In which part of a form that has its slots at a place an episode went on; -1 if it began outside. */
-        int indexWithin(int episode, int content) {
-            int path = heap.kindOf(episode) == RESUMED ? heap.noteOf(episode) : 0;
-            int program = heap.noteOf(path);
-            int slot = heap.at(path, ITEM);
-            int index = heap.at(path, NEXT);
-            for (int i = 0; i < MAX_LEVEL && slot != 0; i++) {
-                int place = slot >>> SLOT_SHIFT;
-                if (place == content) {
-                    return index;
+        /** How many tests are known of a segment; -1 if they are not. */
+        int countOfTests(int interval, int segment) {
+            boolean isAtHand = interval == now && isOpen;
+            if (isAtHand && segment != START) {
+                int count = segment == END ? testCount : passedCount;
+                return count > MOST_TESTS ? UNKNOWN_TEST : count;
+            }
+            long noted = isAtHand || segment != END ? 0 : table.get(interval * WORDS + 2) >>> TESTS_SHIFT;
+            if (noted != 0) {
+                return 63 - Long.numberOfLeadingZeros(noted);
+            }
+            int extra = extraOf(interval, testsOf(segment));
+            int count = extra == 0 ? NO_TESTS : infoOf(extra) & NO_TESTS;
+            return count == NO_TESTS ? UNKNOWN_TEST : count;
+        }
+
+        private static int testsOf(int segment) {
+            return segment == START ? START_EXTRA : segment == PASSED ? PASSED_EXTRA : END_EXTRA;
+        }
+
+        /** What a test of a segment came to: 1 or 0; -1 if that is not known. */
+        int testOf(int interval, int segment, int index) {
+            int count = countOfTests(interval, segment);
+            boolean isAtHand = interval == now && isOpen;
+            if (index < 0 || index >= count) {
+                return UNKNOWN_TEST;
+            }
+            if (isAtHand && segment != START) {
+                return bit(segment == END ? tests : passedTests, index);
+            }
+            long noted = segment != END || isAtHand ? 0 : table.get(interval * WORDS + 2) >>> TESTS_SHIFT;
+            if (noted != 0) {
+                return (int) (noted >>> count - 1 - index) & 1;
+            }
+            load(interval, segment, count);
+            return bit(loaded, index);
+        }
+
+        /** Lets the tests of a segment be at hand. */
+        private void load(int interval, int segment, int count) {
+            long key = (long) interval << 2 | segment;
+            if (key == loadedKey) {
+                return;
+            }
+            long word = log.get(extraOf(interval, testsOf(segment)) + 1);
+            int first = count / BITS_OF_NODE * BITS_OF_NODE;
+            loaded.reach((count >> 6) + 2);
+            for (; first >= 0; first -= BITS_OF_NODE) {
+                for (int i = 0; i < BITS_OF_NODE && first + i < count; i++) {
+                    int place = first + i >> 6;
+                    long bit = 1L << (first + i & 63);
+                    boolean holds = (word >>> LINK_BITS + i & 1) != 0;
+                    loaded.put(place, holds ? loaded.get(place) | bit : loaded.get(place) & ~bit);
                 }
-                slot = store.word(program, place - 2);
-                index = store.word(program, place - 1);
+                word = log.get((int) word & LINK_MASK);
+            }
+            loadedKey = key;
+        }
+
+        /** By what the tests of an END are known, if they are the same as in another one; 0 if they are not known. */
+        long keyOfTests(int interval) {
+            if (interval == now && isOpen) {
+                return few;
+            }
+            long noted = table.get(interval * WORDS + 2) >>> TESTS_SHIFT;
+            int extra = noted != 0 ? 0 : extraOf(interval, END_EXTRA);
+            boolean isKnown = extra != 0 && (infoOf(extra) & NO_TESTS) != NO_TESTS;
+            return noted != 0 ? noted : isKnown ? ~log.get(extra + 1) : 0;
+        }
+
+        // ---- what is known of intervals
+
+        boolean isBegun(int interval) {
+            return (table.get(interval * WORDS) & BEGUN) != 0;
+        }
+
+        /** Whether a variable of an activation may be set somewhere. */
+        boolean isSetSomewhere(int activation, int place) {
+            return (table.get(activation * WORDS) >>> SETS_PLACE + (place & REST - 1) % SETS_BITS & 1) != 0;
+        }
+
+        /** Program and offset of the lambda of an activation. */
+        int codeOf(int activation) {
+            return (int) (table.get(activation * WORDS) >>> CODE_SHIFT) & (1 << BEHIND_SHIFT - CODE_SHIFT) - 1;
+        }
+
+        int programOf(int activation) {
+            return codeOf(activation) >>> OFFSET_BITS;
+        }
+
+        /** What waits behind the body of an activation. */
+        int behind(int activation) {
+            return (int) (table.get(activation * WORDS) >>> BEHIND_SHIFT) & LINK_MASK;
+        }
+
+        /** The environment that is around the one of an activation. */
+        int around(int activation) {
+            return (int) table.get(activation * WORDS + 1) & INTERVAL_MASK;
+        }
+
+        /** The environment in which a body is evaluated. */
+        int environmentOf(int activation) {
+            boolean hasVariables = (table.get(activation * WORDS) & HAS_VARIABLES) != 0;
+            return hasVariables ? activation : (int) table.get(activation * WORDS + 1) & INTERVAL_MASK;
+        }
+
+        /** The activation of a segment: END, START, or the one that was passed where this waited, and 1. */
+        int actOf(int interval, int segment) {
+            if (segment == START) {
+                return interval;
+            }
+            int named = segment == END ? interval : segment - 1;
+            return named == now && isOpen ? act : (int) table.get(named * WORDS + 2) & INTERVAL_MASK;
+        }
+
+        /** What waited for the value with which a segment went on; 0 if it began with a body. */
+        int waitedOf(int interval, int segment) {
+            if (segment != END) {
+                return segment - 1;
+            }
+            boolean isAtHand = interval == now && isOpen;
+            return isAtHand ? waited : (int) (table.get(interval * WORDS + 1) >>> WAITED_SHIFT) & INTERVAL_MASK;
+        }
+
+        /** The name of a segment that stays its name when others come behind it in its interval. */
+        int lastingSegment(int interval, int segment) {
+            return segment == END && interval == now && isOpen ? waited + 1 : segment;
+        }
+
+        /** The value with which the END of an interval went on. */
+        long giftOf(int interval) {
+            return interval == now && isOpen ? gift : table.get(interval * WORDS + 3);
+        }
+
+        /** The place in code where an interval ended; 0 at the end of a body. */
+        int placeOf(int interval) {
+            return (int) (table.get(interval * WORDS + 1) >>> PLACE_SHIFT) & OFFSET_MASK;
+        }
+
+        int flagsOf(int interval) {
+            boolean isAtHand = interval == now && isOpen;
+            return isAtHand ? flags : (int) (table.get(interval * WORDS + 1) >>> FLAG_SHIFT);
+        }
+
+        /** Where an extra of this type is; 0 if there is none. */
+        int extraOf(int interval, int type) {
+            boolean isAtHand = interval == now && isOpen;
+            int extra = isAtHand ? extras : (int) (table.get(interval * WORDS + 2) >>> EXTRA_SHIFT) & LINK_MASK;
+            for (int i = 0; i < MAX_STEPS && extra != 0; i++) {
+                long word = log.get(extra);
+                if ((word & (1 << TYPE_BITS) - 1) == type) {
+                    return extra;
+                }
+                extra = (int) (word >>> TYPE_BITS) & LINK_MASK;
+            }
+            return 0;
+        }
+
+        int infoOf(int extra) {
+            return (int) (log.get(extra) >>> INFO_SHIFT);
+        }
+
+        int firstPassedOf(int interval) {
+            boolean isAtHand = interval == now && isOpen;
+            return isAtHand ? firstPassed : (int) log.get(extraOf(interval, PASSED_EXTRA) + 2);
+        }
+
+        long firstGiftOf(int interval) {
+            boolean isAtHand = interval == now && isOpen;
+            return isAtHand ? firstGift : log.get(extraOf(interval, PASSED_EXTRA) + 3);
+        }
+
+        /** Whether what waits will drop the value that it waits for. */
+        boolean drops(int frame) {
+            return frame > 0 && frame < SPECIAL && (table.get(frame * WORDS + 1) >>> FLAG_SHIFT & DROPPING) != 0;
+        }
+
+        // ---- masks
+
+        long maskOf(int interval) {
+            return table.get(interval * WORDS + 4);
+        }
+
+        void addToMask(int interval, long bits) {
+            table.put(interval * WORDS + 4, table.get(interval * WORDS + 4) | bits);
+        }
+    }
+
+    /**
+     * What variables are set to: in the interval at hand, as far as it is remembered now, and in which intervals some
+     * variable may have been set. For that each interval has a mask, and so have blocks of 8, 64, 512 and 4096 of them, in
+     * which a variable has one bit; the first bit stands for all variables.
+     */
+    private static final class Settings {
+        static final int ANY = 4095; // in place of a variable: any of an environment
+        private static final int MOST = 2048;
+        private static final int HEADS = 1024;
+        private static final int HEADS_SHIFT = 22;
+        private static final int MOST_KEYS = 24;
+        private static final int BLOOM_SHIFT = 16;
+        private static final int BLOOM_WORDS = 1024;
+        private static final int LEAST_FILTER = 4;
+        private static final int BITS_OF_KEY = 8; // of a filter, at least
+        private static final int FILTERS = 64;
+        private static final int FILTERS_SHIFT = 26;
+        private static final int LEAST_WALK = 256;
+        private static final int MOST_WALK = 1 << 15; // words; entries have two of them
+        private static final int ROUND_SHIFT = 38;
+        private static final int MOST_ROUNDS = 1 << 20;
+        private static final int MASK_LEVELS = 4;
+        private static final int GROUP_BITS = 12;
+        private static final int WORDS_OF_GROUP = 3840;
+        private static final int KEY_BITS = 12;
+        private static final int LEAST_CACHE = 256;
+        private static final int MOST_CACHE = 1 << 18; // words; entries have two of them, and there are two in a row
+
+        private final History history;
+        // The settings of the interval at hand; found by their variables.
+        private final int[] environments;
+        private final int[] places;
+        private final long[] contents;
+        private final int[] nexts;
+        private final int[] heads;
+        int count;
+        boolean areTooMany;
+        private final long[] bloom; // of those that were too many; and of all that were set, ahead of its end
+        private final int[] filters; // where some filters of intervals are
+        // What was set in segments that were looked through at last, each one at last: variable; round, segment and place.
+        private long[] walked;
+        private long walkedKey; // of these segments, and 1 as long as they are not all looked through; or 0
+        private int walkedCount;
+        private int round;
+        // What variables are now, as far as it is remembered.
+        private long[] cache;
+        private int cached;
+        private final Area masks;
+
+        Settings(Area room, History history) {
+            this.history = history;
+            environments = new int[MOST];
+            places = new int[MOST];
+            contents = new long[MOST];
+            nexts = new int[MOST];
+            heads = new int[HEADS];
+            bloom = new long[BLOOM_WORDS];
+            filters = new int[FILTERS];
+            walked = new long[LEAST_WALK];
+            cache = new long[LEAST_CACHE];
+            masks = new Area(room, MOST_BLOCKS);
+        }
+
+        private static int hashOf(int environment, int place) {
+            int hash = (environment * 0x9E3779B1 + place * 0x7FEB352D) * 0x85EBCA6B;
+            return (hash ^ hash >>> 15) * 0x2C1B3C6D;
+        }
+
+        // ---- the interval at hand
+
+        /** The setting of a variable in the interval at hand; -1 if there is none. */
+        private int settingOf(int environment, int place) {
+            int setting = count > 0 ? at(heads, hashOf(environment, place) >>> HEADS_SHIFT) - 1 : -1;
+            for (int i = 0; i < MOST && setting >= 0; i++) {
+                if (at(places, setting) == place && at(environments, setting) == environment) {
+                    return setting;
+                }
+                setting = at(nexts, setting) - 1;
             }
             return -1;
         }
 
-        // ---- rows
-
-        boolean isRow(int cell) {
-            int cellKind = heap.kindOf(cell);
-            return cellKind >= ITEMS && cellKind <= RESUMED;
+        /** Lets a variable be set; to 0, if it is not known to what. */
+        void set(int environment, int place, long value) {
+            int setting = settingOf(environment, place);
+            int hash = hashOf(environment, place);
+            if (setting < 0 && count < MOST) {
+                setting = count;
+                count++;
+                put(environments, setting, environment);
+                put(places, setting, place);
+                put(nexts, setting, at(heads, hash >>> HEADS_SHIFT));
+                put(heads, hash >>> HEADS_SHIFT, setting + 1);
+            } else if (setting < 0) {
+                areTooMany = true;
+                int bit = hash >>> BLOOM_SHIFT;
+                putWord(bloom, bit >> 6, wordAt(bloom, bit >> 6) | 1L << (bit & 63));
+            }
+            putWord(contents, setting, value);
+            if (environment != 0) {
+                remember(environment, place, value);
+            }
         }
 
-        /** A value of a row of the body, at a height, where its place in the code is known; 0 if it is wanted first. */
-        int look(int row, int height, int place) {
-            int node = row;
-            for (int i = 0; i < MAX_ROW && heap.kindOf(node) == JOINED && height < heap.at(node, EXTRA); i++) {
-                node = heap.at(node, NEXT);
-            }
-            boolean isJoined = heap.kindOf(node) == JOINED;
-            int item = isJoined ? heap.at(node, ITEM) : node;
-            if (!isEpisode(item)) {
-                return plainAt(item, isJoined ? height - heap.at(node, EXTRA) : height);
-            }
-            int value = simplePart(item, place);
-            if (value == 0) {
-                want(item, place);
-            }
-            return value;
+        /** Whether a variable may have been set in the interval at hand. */
+        boolean mayBeSetNow(int environment, int place) {
+            int bit = hashOf(environment, place) >>> BLOOM_SHIFT;
+            boolean isAmongMany = areTooMany && (wordAt(bloom, bit >> 6) >>> (bit & 63) & 1) != 0;
+            return isAmongMany || settingOf(environment, place) >= 0;
         }
 
-        /** A value of a row that is held as it is. */
-        int plainAt(int row, int index) {
-            if (heap.kindOf(row) != ITEMS) {
-                return index == 0 ? row : 0;
-            }
-            int value = index < NEAR ? 0 : heap.known(row, index);
-            if (value != 0 || index < 0) {
-                return value;
-            }
-            int cell = row;
-            for (int i = 0; i < index / 3; i++) {
-                cell = heap.noteOf(cell);
-            }
-            value = heap.at(cell, index % 3 + 1);
-            if (index >= NEAR) {
-                heap.know(row, index, value);
-            }
-            return value;
+        int environmentOf(int setting) {
+            return at(environments, setting);
         }
 
-        /**
-         * A variable of an environment by the row that it is bound to, or a part of a list that is made of a row; 0 if it is
-         * wanted first.
-         */
-        int variable(int environment, int row, int index, boolean isList) {
-            int node = row;
-            int at = index;
-            boolean isOfList = isList;
-            if (heap.kindOf(node) == LISTED) {
-                if (at == heap.at(node, EXTRA)) {
-                    return heap.at(node, NEXT);
+        int placeOf(int setting) {
+            return at(places, setting);
+        }
+
+        long contentOf(int setting) {
+            return wordAt(contents, setting);
+        }
+
+        void setContent(int setting, long value) {
+            putWord(contents, setting, value);
+            remember(at(environments, setting), at(places, setting), value);
+        }
+
+        /** Whether all that variables were set to is known. */
+        boolean areKnown() {
+            boolean areKnown = !areTooMany;
+            for (int i = 0; i < count && areKnown; i++) {
+                areKnown = contentOf(i) != 0;
+            }
+            return areKnown;
+        }
+
+        /** Keeps which variables were set in the interval at hand, if they are many; it is kept once if it is the same again. */
+        void addFilter() {
+            if (!isOfAll()) {
+                return;
+            }
+            int words = areTooMany ? BLOOM_WORDS : LEAST_FILTER;
+            for (; words < BLOOM_WORDS && words * 64 < BITS_OF_KEY * count; words *= 2) {
+                // It is a power of two.
+            }
+            for (int i = 0; i < count; i++) {
+                int bit = hashOf(at(environments, i), at(places, i)) >>> BLOOM_SHIFT & words * 64 - 1;
+                putWord(bloom, bit >> 6, wordAt(bloom, bit >> 6) | 1L << (bit & 63));
+            }
+            int hash = words;
+            for (int i = 0; i < words; i++) {
+                long word = wordAt(bloom, i);
+                hash = (hash * 31 + (int) word) * 31 + (int) (word >>> 32);
+            }
+            int row = hash * 0x9E3779B1 >>> FILTERS_SHIFT;
+            boolean isKnown = isFilter(at(filters, row), words);
+            if (!isKnown && history.isRoomy()) {
+                put(filters, row, history.add(words));
+                for (int i = 0; i < words; i++) {
+                    history.add(wordAt(bloom, i));
                 }
-                int tail = at < NEAR ? 0 : heap.known(node, at);
-                if (tail == 0) {
-                    tail = tailOf(heap.at(node, ITEM), at);
-                    if (at >= NEAR) {
-                        heap.know(node, at, tail);
-                    }
+                isKnown = true;
+            }
+            if (isKnown) {
+                history.addExtra(History.FILTER_EXTRA, at(filters, row));
+            }
+        }
+
+        /** Whether there is such a filter at a place of the log. */
+        private boolean isFilter(int place, int words) {
+            boolean isSame = place != 0 && history.word(place) == words;
+            for (int i = 0; i < words && isSame; i++) {
+                isSame = history.word(place + 1 + i) == wordAt(bloom, i);
+            }
+            return isSame;
+        }
+
+        /** Whether a variable may be among those of a filter at a place of the log. */
+        boolean mayBeIn(int filter, int environment, int place) {
+            int words = (int) history.word(filter);
+            int bit = hashOf(environment, place) >>> BLOOM_SHIFT & words * 64 - 1;
+            return (history.word(filter + 1 + (bit >> 6)) >>> (bit & 63) & 1) != 0;
+        }
+
+        /** Whether variables of so many environments were set that no mask tells them apart. */
+        private boolean isOfAll() {
+            int runs = areTooMany ? MOST_KEYS + 1 : 0;
+            for (int i = 0; i < count && runs <= MOST_KEYS; i++) {
+                runs += i == 0 || at(environments, i - 1) != at(environments, i) ? 1 : 0;
+            }
+            return runs > MOST_KEYS;
+        }
+
+        /** Lets the settings at hand be those of an interval that has ended. */
+        void commit(int interval) {
+            boolean areMany = count > MOST_KEYS;
+            boolean isAll = isOfAll();
+            if (isAll) {
+                markAll(interval);
+            }
+            for (int i = 0; i < count; i++) {
+                int environment = at(environments, i);
+                int place = at(places, i);
+                boolean isFirst = i == 0 || at(environments, i - 1) != environment;
+                if (!isAll && (!areMany || isFirst)) {
+                    mark(interval, hashOf(environment, areMany ? ANY : place));
                 }
-                node = heap.at(tail, ITEM);
-                if (heap.kindOf(tail) != VIEW || !isRow(node)) {
-                    return tail == 0 ? 0 : partOf(tail);
-                }
-                at = heap.at(tail, NEXT);
-                isOfList = true;
+                put(heads, hashOf(environment, place) >>> HEADS_SHIFT, 0);
             }
-            int place = (heap.at(environment, EXTRA) >>> COUNT_BITS) + 1 + at;
-            if (heap.kindOf(node) == ARGUMENTS) {
-                int note = heap.noteOf(node);
-                if (!isOfList && (note & HAS_REST) != 0 && at == (note & COUNT_MASK)) {
-                    int count = note >>> COUNT_BITS + 1;
-                    return count > at ? heap.make(VIEW, count, node, at, 0) : EMPTY_CELL;
-                }
-                place = heap.at(node, NEXT) + 1 + at;
-                at = heap.at(node, NEXT) == 0 ? at : heap.at(node, EXTRA) + 1 + at;
-                node = heap.at(node, ITEM);
+            for (int i = 0; i < BLOOM_WORDS && isAll; i++) {
+                putWord(bloom, i, 0);
             }
-            for (int i = 0; i < MAX_ROW && heap.kindOf(node) == JOINED && at < heap.at(node, EXTRA); i++) {
-                node = heap.at(node, NEXT);
-            }
-            at = heap.kindOf(node) == JOINED ? at - heap.at(node, EXTRA) : at;
-            node = heap.kindOf(node) == JOINED ? heap.at(node, ITEM) : node;
-            int cellKind = heap.kindOf(node);
-            if (cellKind != BEGUN && cellKind != RESUMED) {
-                return plainAt(node, at);
-            }
-            int value = simplePart(node, place);
-            wantedPlace = value == 0 && wanted == 0 ? place : wantedPlace;
-            wanted = value == 0 && wanted == 0 ? node : wanted;
-            return value;
+            count = 0;
+            areTooMany = false;
         }
 
-        /** A row that is held as it is: one value is its own row. */
-        int plain(Row row, int first, int length) {
-            if (length == 1) {
-                return row.get(first);
-            }
-            int items = 0;
-            for (int i = (length + 2) / 3 * 3 - 3; i >= 0; i -= 3) {
-                int other = i + 1 < length ? row.get(first + i + 1) : 0;
-                int third = i + 2 < length ? row.get(first + i + 2) : 0;
-                items = heap.make(ITEMS, items, row.get(first + i), other, third);
-            }
-            return items;
-        }
+        // ---- segments that were looked through
 
-        /** A row of the first parts of a list, and perhaps of what is left of it. */
-        int rowOfList(int list, int count, boolean hasRest) {
-            int rest = hasRest ? copyOf(tailOf(list, count)) : 0;
-            int left = list;
-            gathered.used = 0;
-            for (int i = 0; i < count && count <= MOST_PLAIN && wanted == 0; i++) {
-                gathered.add(firstOf(left));
-                left = restOf(left);
-            }
-            boolean isPlain = count <= MOST_PLAIN && wanted == 0;
-            wanted = 0;
-            gathered.put(count, rest);
-            return isPlain ? plain(gathered, 0, hasRest ? count + 1 : count) : heap.make(LISTED, 0, list, rest, count);
-        }
-
-        // ---- the body at hand
-
-        void forgetBody() {
-            begins.used = 0;
-            paths.used = 0;
-            gifts.used = 0;
-            times.used = 0;
-            episodes.used = 0;
-            base.used = 0;
-            built = 0;
-        }
-
-        void beginBody(int program, int slot) {
-            begun.put(0, program);
-            begun.put(1, slot);
-            beginEpisode(0, 0, 0);
-        }
-
-        void resumeBody(int row, int height, int path, int value) {
-            base.put(0, row);
-            base.used = 1;
-            beginEpisode(height, path, value);
-        }
-
-        /** Begins with an episode at this height, where what was above is no more. */
-        void beginEpisode(int height, int path, int value) {
-            int last = begins.used;
-            for (int i = 0; i < MAX_ROW && last > 0 && begins.get(last - 1) >= height; i++) {
-                last--;
-            }
-            begins.put(last, height);
-            paths.put(last, path);
-            gifts.put(last, value);
-            times.put(last, nextStamp());
-            testsOfBody.put(2 * last, 1);
-            testsOfBody.put(2 * last + 1, 0);
-            episodes.put(last, 0);
-            begins.used = last + 1;
-            paths.used = last + 1;
-            gifts.used = last + 1;
-            episodes.used = last + 1;
-        }
-
-        /** The stamp of the episode at hand. */
-        int lastStamp() {
-            return times.get(begins.used - 1);
-        }
-
-        int countOfEpisodes() {
-            return begins.used;
-        }
-
-        int base() {
-            return base.used > 0 ? base.get(0) : 0;
-        }
-
-        int beginOfLast() {
-            return begins.get(begins.used - 1);
-        }
-
-        boolean isLastMade() {
-            return episodes.get(begins.used - 1) != 0;
-        }
-
-        int lastEpisode(int environment) {
-            return episodeAt(begins.used - 1, environment);
-        }
-
-        private int episodeAt(int index, int environment) {
-            int episode = episodes.get(index);
-            if (episode == 0) {
-                int path = paths.get(index);
-                int stamp = times.get(index);
-                int low = testsOfBody.get(2 * index);
-                int high = testsOfBody.get(2 * index + 1);
-                int gift = gifts.get(index);
-                if (path == 0) {
-                    int tests = high != 0 || low >>> NOTE_BITS - PROGRAM_BITS != 0 ? 0 : low;
-                    episode = heap.make(BEGUN, begun.get(0) | tests << PROGRAM_BITS, begun.get(1), environment, stamp);
-                } else {
-                    gift = high != 0 || low != 1 ? heap.make(TESTS, 0, gift, low, high) : gift;
-                    episode = heap.make(RESUMED, path, gift, environment, stamp);
-                }
-                episodes.put(index, episode);
-                isGlobalSeen = true;
-                int around = environment;
-                for (int i = 0; i < MAX_LEVEL && around != 0; i++) {
-                    heap.setNote(around, heap.noteOf(around) | SEEN);
-                    around = heap.at(around, NEXT);
+        /** Begins to look through segments. */
+        void beginWalk(long key) {
+            walkedKey = key | 1;
+            walkedCount = 0;
+            round++;
+            if (round >= MOST_ROUNDS) {
+                round = 1;
+                for (int i = 0; i < walked.length; i++) {
+                    putWord(walked, i, 0);
                 }
             }
-            return episode;
         }
 
-        /** A row of the values that wait up to a height, where the stack has those from below on. */
-        int rowUpTo(int to, int below, int environment) {
-            int row = base();
-            for (int i = 0; i < begins.used && begins.get(i) < to; i++) {
-                int from = begins.get(i);
-                int end = i + 1 < begins.used ? Math.min(to, begins.get(i + 1)) : to;
-                if (end > from) {
-                    boolean isPlain = from >= below && episodes.get(i) == 0 && areFew(from - below, end - from, MOST_CELLS);
-                    int item = isPlain ? plain(stack, from - below, end - from) : episodeAt(i, environment);
-                    row = from == 0 ? item : heap.make(JOINED, 0, item, row, from);
+        /** Notes where a variable was set, in a segment that is looked through. */
+        void noteWalked(long key, int environment, int place, long where) {
+            if (walkedKey != (key | 1)) {
+                return;
+            }
+            int row = rowOfWalked(hashOf(environment, place), (long) environment << KEY_BITS | place);
+            boolean isNew = wordAt(walked, row + 1) >>> ROUND_SHIFT != round;
+            walkedCount += isNew ? 1 : 0;
+            putWord(walked, row, (long) environment << KEY_BITS | place);
+            putWord(walked, row + 1, where | (long) round << ROUND_SHIFT);
+            if (walkedCount > walked.length >> 2) {
+                // There is no room for all of them now, but for the next time.
+                walkedKey = 0;
+                walked = walked.length < MOST_WALK ? new long[4 * walked.length] : walked;
+            }
+        }
+
+        void endWalk(long key) {
+            walkedKey = walkedKey == (key | 1) ? key : 0;
+        }
+
+        boolean isWalked(long key) {
+            return walkedKey == key;
+        }
+
+        /** Where a variable was set at last in the segments that were looked through; 0 if it was not. */
+        long walked(int environment, int place) {
+            int row = rowOfWalked(hashOf(environment, place), (long) environment << KEY_BITS | place);
+            boolean isThere = wordAt(walked, row + 1) >>> ROUND_SHIFT == round;
+            return isThere ? wordAt(walked, row + 1) & (1L << ROUND_SHIFT) - 1 : 0;
+        }
+
+        /** The row of a variable that was noted, or one that is free. */
+        private int rowOfWalked(int hash, long key) {
+            int row = hash << 1 & walked.length - 2;
+            for (int i = 0; i < walked.length; i += 2) {
+                boolean isInside = row >= 0 && row + 1 < walked.length;
+                if (!isInside || walked[row + 1] >>> ROUND_SHIFT != round || walked[row] == key) {
+                    return row;
                 }
+                row = row + 2 & walked.length - 2;
             }
             return row;
         }
 
-        /** Whether so many values of the stack take few cells if they are held as they are. */
-        boolean areFew(int first, int count, int most) {
-            int cells = count > 1 ? 1 : 0;
-            for (int i = first; i < first + count && count <= MOST_PLAIN; i++) {
-                cells += isCostly(stack.get(i)) ? 1 : 0;
-            }
-            return count <= MOST_PLAIN && cells <= most;
+        // ---- what is remembered
+
+        private int rowOf(int hash) {
+            return (hash & (cache.length >> 2) - 1) << 2;
         }
 
-        /** Whether a value takes a cell if it is held, as it would be made again otherwise. */
-        boolean isCostly(int value) {
-            int cellKind = heap.kindOf(value);
-            return cellKind == CLOSURE || cellKind == VIEW || cellKind == QUOTED;
+        /** What a variable is now; 0 if that is not remembered. */
+        long known(int environment, int place) {
+            int row = rowOf(hashOf(environment, place));
+            long key = (long) environment << KEY_BITS | place;
+            if (wordAt(cache, row) == key) {
+                return wordAt(cache, row + 1);
+            }
+            return wordAt(cache, row + 2) == key ? wordAt(cache, row + 3) : 0;
+        }
+
+        /** Lets it be remembered what a variable is now; 0 lets it be forgotten. */
+        void remember(int environment, int place, long value) {
+            int row = rowOf(hashOf(environment, place));
+            long key = (long) environment << KEY_BITS | place;
+            if (wordAt(cache, row) != key) {
+                if (wordAt(cache, row + 2) != key) {
+                    cached++;
+                }
+                putWord(cache, row + 2, wordAt(cache, row));
+                putWord(cache, row + 3, wordAt(cache, row + 1));
+                putWord(cache, row, key);
+            }
+            putWord(cache, row + 1, value);
+            if (cached > cache.length >> 1 && cache.length < MOST_CACHE) {
+                growCache();
+            }
+        }
+
+        private void growCache() {
+            long[] before = cache;
+            cache = new long[4 * before.length];
+            cached = 0;
+            for (int i = before.length - 2; i >= 0; i -= 2) {
+                long key = wordAt(before, i);
+                if (key != 0) {
+                    remember((int) (key >>> KEY_BITS), (int) key & (1 << KEY_BITS) - 1, wordAt(before, i + 1));
+                }
+            }
+        }
+
+        // ---- masks
+
+        int blocksFor(int interval) {
+            int lacking = ((interval >> GROUP_BITS) + 1) * WORDS_OF_GROUP - masks.words();
+            return Math.max(0, lacking + BLOCK_MASK >> BLOCK_BITS);
+        }
+
+        void take(int interval) {
+            masks.reach(((interval >> GROUP_BITS) + 1) * WORDS_OF_GROUP);
+        }
+
+        int blocks() {
+            return masks.countOfBlocks();
+        }
+
+        /** Where the mask of the block around an interval begins, at a level from 1 to 4. */
+        private static int placeOfMask(int level, int interval) {
+            int before = level == 1 ? 0 : level == 2 ? 2048 : level == 3 ? 3072 : 3584;
+            int inside = interval & (1 << GROUP_BITS) - 1;
+            return (interval >> GROUP_BITS) * WORDS_OF_GROUP + before + (inside >> 3 * level << 2 * level);
+        }
+
+        /** The bit of a variable in a mask of a level, never the first one. */
+        private static int bitOf(int level, int hash) {
+            return Math.max(1, hash >>> 26 - 2 * level);
+        }
+
+        private void mark(int interval, int hash) {
+            history.addToMask(interval, 1L << bitOf(0, hash));
+            for (int level = 1; level <= MASK_LEVELS; level++) {
+                int bit = bitOf(level, hash);
+                int word = placeOfMask(level, interval) + (bit >> 6);
+                masks.put(word, masks.get(word) | 1L << (bit & 63));
+            }
+        }
+
+        private void markAll(int interval) {
+            history.addToMask(interval, 1);
+            for (int level = 1; level <= MASK_LEVELS; level++) {
+                int word = placeOfMask(level, interval);
+                masks.put(word, masks.get(word) | 1);
+            }
+        }
+
+        private boolean isMarked(int level, int interval, int hash, int other) {
+            int place = placeOfMask(level, interval);
+            int one = bitOf(level, hash);
+            int two = bitOf(level, other);
+            return (masks.get(place + (one >> 6)) >>> (one & 63) & 1) != 0
+                    || (masks.get(place + (two >> 6)) >>> (two & 63) & 1) != 0
+                    || (masks.get(place) & 1) != 0;
+        }
+
+        /** The last interval ahead of one, and not ahead of another, in which a variable may have been set; 0 if none. */
+        int lastSetting(int environment, int place, int ahead, int lowest) {
+            int hash = hashOf(environment, place);
+            int other = hashOf(environment, ANY);
+            long bits = 1 | 1L << bitOf(0, hash) | 1L << bitOf(0, other);
+            int interval = ahead - 1;
+            for (int i = 0; i < MAX_STEPS && interval >= lowest && interval > 0; i++) {
+                if ((history.maskOf(interval) & bits) != 0) {
+                    return interval;
+                }
+                int level = (interval & 7) == 7 ? MASK_LEVELS : 0;
+                for (; level > 0 && isMarked(level, interval, hash, other); level--) {
+                    // A block in which it may have been set is looked at in parts.
+                }
+                interval = level == 0 ? interval - 1 : (interval >> 3 * level << 3 * level) - 1;
+            }
+            return 0;
+        }
+    }
+
+    /**
+     * Finds what parts of segments came to, by the code and by what variables were then, in steps.
+     *
+     * <p>The slot of a part tells its value, or a variable, which leads to what it was set to at last ahead of that, or to the
+     * argument that it was bound to, so to another part of an earlier segment, and so on: one task, without a stack. Only for
+     * a test that is not known there is a task within a task; if they are too many, the innermost one is done by itself first.
+     * What was found is known for a while, for some parts on the way, too.
+     *
+     * <p>A segment of an interval is named by END, START, or by what waited in one that was passed, and 1.
+     */
+    private static final class Finder {
+        private static final int ARGUMENTS = -1; // in place of a segment: the arguments of an activation
+        private static final int VARIABLES = -2; // the variables of an environment as they are now
+        private static final int TAILS = -3; // what is left of the list of arguments of an activation
+        private static final int SEGMENT_BITS = 20;
+        private static final int LEAST_SEGMENT = 4;
+        // What a task knows: the part that is looked at, how far it is.
+        private static final int INTERVAL = 0;
+        private static final int SEGMENT = 1;
+        private static final int PLACE = 2;
+        private static final int STAGE = 3;
+        // The variable that is looked for, the interval at hand and what is next in it, the one from which on none is looked at.
+        private static final int TARGET = 4;
+        private static final int TARGET_PLACE = 5;
+        private static final int LOOKED = 6;
+        private static final int NEXT = 7;
+        private static final int CEILING = 8;
+        // What is looked through, what for, what waited in the segment at hand, and how far: in which segment, up to what place.
+        private static final int SCANNED = 9;
+        private static final int PURPOSE = 10;
+        private static final int WAITED = 11;
+        private static final int LIMIT_WAITED = 12;
+        private static final int LIMIT = 13;
+        // The form at hand, how many tests were ahead, in which segment and where the variable was set at last, how far out it
+        // is, which form was the last one of the body.
+        private static final int FORM = 14;
+        private static final int FORM_PLACE = 15;
+        private static final int TESTS_SEEN = 16;
+        private static final int LAST_WAITED = 17;
+        private static final int LAST = 18;
+        private static final int DEPTH = 19;
+        private static final int LAST_FORM = 20;
+        // What the task is for; where its levels and marks begin; how many parts led to this one; what a test came to.
+        private static final int KEY_INTERVAL = 21;
+        private static final int KEY_SEGMENT = 22;
+        private static final int KEY_PLACE = 23;
+        private static final int BOTTOM = 24;
+        private static final int FIRST_MARK = 25;
+        private static final int LINKS = 26;
+        private static final int OUTCOME = 27;
+        private static final int WALKED = 28; // all settings are noted on the way
+        private static final int WAY = 29; // the way at hand is that of the segment that is looked through
+        private static final int TASK = 30;
+        // Stages.
+        private static final int AT_PART = 0;
+        private static final int AT_CHOICE = 1;
+        private static final int AT_SEARCH = 2;
+        private static final int AT_SEGMENT = 3;
+        private static final int AT_SCAN = 4;
+        private static final int AT_SCAN_CHOICE = 5;
+        private static final int AT_WAY = 6;
+        private static final int AT_REST = 7;
+        private static final int AT_VARIABLE = 8;
+        private static final int AT_TEST = 9;
+        // What is next in an interval: its END, what was passed, its START, an interval before.
+        private static final int FROM_END = 0;
+        private static final int FROM_PASSED = 1;
+        private static final int FROM_START = 2;
+        private static final int BEFORE = 3;
+        // What segments are looked through for: a setting, which part of a test is chosen, the value that one goes on with.
+        private static final int SETTING = 0;
+        private static final int CHOICE = 1;
+        private static final int GIFT = 2;
+        private static final int GLOBAL_DEPTH = 127;
+        private static final int NONE = -1;
+        private static final int MOST_TASKS = 400;
+        private static final int MOST_PENDING = 12000;
+        private static final int MOST_LEVELS = 1 << 14;
+        private static final int MOST_MARKS = 3 << 10;
+        private static final int LEAST_TABLE = 256;
+        private static final int MOST_KNOWN = 1 << 16;
+        private static final int MOST_PASSES = 1 << 14;
+        private static final int MOST_WAYS = 1 << 14;
+        private static final int TAIL_STEP = 32;
+        private static final long NOT_SET = 1; // no value
+
+        private final Store store;
+        private final History history;
+        private final Settings settings;
+        private final int[] tasks;
+        private int depth; // how many of them there are
+        private final int[] levels; // of tasks: slot and cursor of each form that waits
+        private int levelsUsed;
+        private final int[] marks; // parts on the way to one, which come to the same
+        private int marksUsed;
+        private final int[] pending; // what is still to be looked for behind what the tasks are for
+        private int pendingUsed;
+        int wanted; // the program that must be expanded first; or 0
+        private long answer; // what was found at last
+        private long answerKey;
+        private long asked; // what is to be found; or 0
+        private long[] known; // for a part of a segment
+        private long[] passes; // for a variable: in which interval it was set at last ahead of another one
+        private long[] ways; // for a way through code: where a variable was set at last in it, or which part was chosen
+        private final long[] way; // the one at hand: where it begins, how far it goes, how far out the variable is; tests
+        private int forgotten; // of what was known, since there were so many entries
+
+        Finder(Store store, History history, Settings settings) {
+            this.store = store;
+            this.history = history;
+            this.settings = settings;
+            tasks = new int[TASK * (MOST_TASKS + 1)];
+            levels = new int[MOST_LEVELS];
+            marks = new int[MOST_MARKS];
+            pending = new int[MOST_PENDING];
+            known = new long[LEAST_TABLE];
+            passes = new long[LEAST_TABLE];
+            ways = new long[LEAST_TABLE];
+            way = new long[2];
+        }
+
+        // ---- what is asked for
+
+        /** What a part of a segment came to; 0 if it is being looked for. */
+        long partOf(int interval, int segment, int place) {
+            long key = keyOf(interval, segment, place);
+            if (answer != 0 && answerKey == key) {
+                return answer;
+            }
+            asked = key;
+            return 0;
+        }
+
+        /** What a variable is; 0 if it is being looked for. */
+        long variableNow(int environment, int place) {
+            return partOf(environment, VARIABLES, place);
+        }
+
+        /** Forgets what was found at last. */
+        void forget() {
+            answer = 0;
+        }
+
+        boolean isBusy() {
+            return depth > 0 || asked != 0;
+        }
+
+        int takeWanted() {
+            int program = wanted;
+            wanted = 0;
+            return program;
+        }
+
+        void drop() {
+            asked = 0;
+            depth = 0;
+            levelsUsed = 0;
+            marksUsed = 0;
+            pendingUsed = 0;
+            wanted = 0;
+        }
+
+        /** Goes on with looking, until it is found, or a program is wanted. */
+        void goOn() {
+            growTables();
+            if (asked != 0) {
+                int segment = (int) (asked >>> INTERVAL_BITS) & (1 << SEGMENT_BITS) - 1;
+                beginTask((int) asked & INTERVAL_MASK, segment - LEAST_SEGMENT, (int) (asked >>> INTERVAL_BITS + SEGMENT_BITS));
+                asked = 0;
+            }
+            for (long i = 0; i < MAX_TURNS && depth > 0 && wanted == 0; i++) {
+                long found = 0;
+                if (forgotten > known.length && known.length < MOST_KNOWN) {
+                    growKnown();
+                }
+                switch (noted(STAGE)) {
+                    case AT_PART:
+                        found = noted(SEGMENT) == ARGUMENTS ? lookAtArgument() : lookAtPart();
+                        break;
+                    case AT_SEARCH:
+                        found = search();
+                        break;
+                    case AT_WAY:
+                        lookForWay();
+                        break;
+                    case AT_TEST:
+                        note(STAGE, AT_CHOICE);
+                        beginTest(noted(INTERVAL), noted(SEGMENT), noted(LIMIT));
+                        break;
+                    case AT_VARIABLE:
+                        note(INTERVAL, history.now);
+                        note(SEGMENT, History.END);
+                        note(PLACE, 0);
+                        beginSearch(noted(KEY_INTERVAL), noted(KEY_PLACE));
+                        break;
+                    case AT_REST:
+                        int activation = noted(INTERVAL);
+                        found = view(activation, noted(PLACE), countOfArguments(activation));
+                        break;
+                    case AT_SEGMENT:
+                        openSegment();
+                        break;
+                    case AT_SCAN:
+                        found = scan();
+                        break;
+                    default:
+                        choose();
+                }
+                if (found != 0) {
+                    endTask(found);
+                }
+            }
+        }
+
+        // ---- tasks
+
+        private int noted(int which) {
+            int index = (depth - 1) * TASK + which;
+            return index >= 0 && index < tasks.length ? tasks[index] : 0;
+        }
+
+        private void note(int which, int number) {
+            int index = (depth - 1) * TASK + which;
+            if (index >= 0 && index < tasks.length) {
+                tasks[index] = number;
+            }
+        }
+
+        private void beginTask(int interval, int segment, int place) {
+            if (depth >= MOST_TASKS || levelsUsed > MOST_LEVELS - 4 * LEVELS || marksUsed > MOST_MARKS - 2 * LEVELS) {
+                putOff();
+            }
+            depth++;
+            for (int i = 0; i < TASK; i++) {
+                note(i, 0);
+            }
+            note(KEY_INTERVAL, interval);
+            note(KEY_SEGMENT, segment);
+            note(KEY_PLACE, place);
+            note(BOTTOM, levelsUsed);
+            note(FIRST_MARK, marksUsed);
+            note(INTERVAL, interval);
+            note(SEGMENT, segment);
+            note(PLACE, place);
+            note(STAGE, segment == VARIABLES ? AT_VARIABLE : AT_PART);
+        }
+
+        /** Looks for what a test came to, by a task of its own if that is not known. */
+        private void beginTest(int interval, int segment, int place) {
+            long found = knownPart(interval, segment, place);
+            if (found != 0) {
+                note(OUTCOME, found == FALSE ? 0 : 1);
+            } else {
+                beginTask(interval, segment, place);
+            }
+        }
+
+        /** Gives up the outer half of the tasks; what they are for is looked for later, from the beginning. */
+        private void putOff() {
+            int all = depth;
+            int dropped = (depth + 1) / 2;
+            depth = 1;
+            put(pending, pendingUsed, noted(KEY_INTERVAL));
+            put(pending, pendingUsed + 1, noted(KEY_SEGMENT));
+            put(pending, pendingUsed + 2, noted(KEY_PLACE));
+            pendingUsed = Math.min(pendingUsed + 3, MOST_PENDING);
+            depth = dropped + 1;
+            int bottom = dropped < all ? noted(BOTTOM) : levelsUsed;
+            int first = dropped < all ? noted(FIRST_MARK) : marksUsed;
+            for (int i = 0; i < (all - dropped) * TASK; i++) {
+                put(tasks, i, at(tasks, i + dropped * TASK));
+            }
+            for (int i = bottom; i < levelsUsed; i++) {
+                put(levels, i - bottom, at(levels, i));
+            }
+            for (int i = first; i < marksUsed; i++) {
+                put(marks, i - first, at(marks, i));
+            }
+            levelsUsed -= bottom;
+            marksUsed -= first;
+            for (depth = 1; depth <= all - dropped; depth++) {
+                note(BOTTOM, noted(BOTTOM) - bottom);
+                note(FIRST_MARK, noted(FIRST_MARK) - first);
+            }
+            depth = all - dropped;
+        }
+
+        private void endTask(long found) {
+            int first = noted(FIRST_MARK);
+            for (int i = first; i < marksUsed; i += 3) {
+                know(at(marks, i), at(marks, i + 1), at(marks, i + 2), found);
+            }
+            int interval = noted(KEY_INTERVAL);
+            int segment = noted(KEY_SEGMENT);
+            int place = noted(KEY_PLACE);
+            if (segment != VARIABLES) {
+                know(interval, segment, place, found);
+            }
+            marksUsed = first;
+            levelsUsed = noted(BOTTOM);
+            depth--;
+            if (depth > 0) {
+                note(OUTCOME, found == FALSE ? 0 : 1);
+            } else if (pendingUsed >= 3) {
+                pendingUsed -= 3;
+                beginTask(at(pending, pendingUsed), at(pending, pendingUsed + 1), at(pending, pendingUsed + 2));
+            } else {
+                answer = found;
+                answerKey = keyOf(interval, segment, place);
+            }
+        }
+
+        /** Lets the task look at another part, which comes to the same. */
+        private void follow(int interval, int segment, int place) {
+            note(INTERVAL, interval);
+            note(SEGMENT, segment);
+            note(PLACE, place);
+            note(STAGE, AT_PART);
+            int links = noted(LINKS) + 1;
+            note(LINKS, links);
+            if ((links & links - 1) == 0) {
+                put(marks, marksUsed, interval);
+                put(marks, marksUsed + 1, segment);
+                put(marks, marksUsed + 2, place);
+                marksUsed = Math.min(marksUsed + 3, MOST_MARKS);
+            }
+        }
+
+        private boolean isLoaded(int program) {
+            boolean isThere = store.isLoaded(program);
+            wanted = isThere ? wanted : program;
+            return isThere;
+        }
+
+        // ---- parts
+
+        /** What the part at hand came to; 0 if it is not known yet. */
+        private long lookAtPart() {
+            int interval = noted(INTERVAL);
+            int segment = noted(SEGMENT);
+            int place = noted(PLACE);
+            long found = knownPart(interval, segment, place);
+            if (found != 0) {
+                return found;
+            }
+            int waited = history.waitedOf(interval, segment);
+            int act = history.actOf(interval, segment);
+            int program = history.programOf(act);
+            if (!isLoaded(program)) {
+                return 0;
+            }
+            if (waited != 0 && place == history.placeOf(waited)) {
+                return giftOf(interval, segment);
+            }
+            int slot = store.word(program, place);
+            int content = slot >>> SLOT_SHIFT;
+            int tag = slot & TAG_MASK;
+            if (slot == 0) {
+                return NOTHING;
+            } else if (tag == CONSTANT) {
+                return store.valueOf(content);
+            } else if (tag == QUOTATION) {
+                return store.plainValue(program, content);
+            } else if (waited != 0 && isEarlier(program, waited, place)) {
+                follow(waited, History.END, place);
+                return 0;
+            }
+            switch (tag) {
+                case LOCAL:
+                    return lookAtVariable(act, slot);
+                case GLOBAL:
+                    beginSearch(0, content);
+                    return 0;
+                case SEQUENCE:
+                    note(PLACE, lastOf(program, content));
+                    return 0;
+                case BRANCH:
+                    beginChoice(program, waited, content);
+                    return 0;
+                case OTHER:
+                    boolean isLambda = store.word(program, content) == LAMBDA;
+                    return isLambda ? closure(content, act, interval) : NOTHING;
+                default:
+                    return NOTHING;
+            }
+        }
+
+        static long closure(int offset, int act, int interval) {
+            return CLOSURE
+                    | (long) offset << VALUE_BITS
+                    | (long) act << VALUE_BITS + OFFSET_BITS
+                    | (long) interval << VALUE_BITS + OFFSET_BITS + INTERVAL_BITS;
+        }
+
+        /** Whether a place is that of a part of a call that came ahead of where a segment went on. */
+        private boolean isEarlier(int program, int waited, int place) {
+            int content = store.word(program, history.placeOf(waited)) >>> SLOT_SHIFT;
+            for (int i = 0; i < MAX_LEVEL && content != 0; i++) {
+                int around = store.word(program, content - 2);
+                int index = store.word(program, content - 1) & INDEX_MASK;
+                content = around >>> SLOT_SHIFT;
+                if (around != 0 && (around & TAG_MASK) == CALL && place >= content && place < content + index) {
+                    return true;
+                }
+            }
+            return false;
+        }
+
+        private int lastOf(int program, int content) {
+            int last = content;
+            for (int i = 0; i < MAX_SIZE && store.word(program, last + 1) != 0; i++) {
+                last++;
+            }
+            return last;
+        }
+
+        private long lookAtVariable(int act, int slot) {
+            int environment = history.environmentOf(act);
+            for (int i = slot >>> DEPTH_OUT_SHIFT; i > 0; i--) {
+                environment = history.around(environment);
+            }
+            int place = slot >> SLOT_SHIFT & VARIABLE_MASK;
+            if (history.isSetSomewhere(environment, place)) {
+                beginSearch(environment, place);
+                return 0;
+            }
+            beginArgument(environment, place);
+            return 0;
+        }
+
+        /** Goes on to which part of a test was chosen. */
+        private void beginChoice(int program, int waited, int content) {
+            int segment = noted(SEGMENT);
+            int inside = waited == 0 ? -1 : indexWithin(program, waited, content);
+            int scanned = Math.min(segment, History.PASSED);
+            if (inside > 0) {
+                note(PLACE, content + inside);
+            } else if (history.countOfTests(noted(INTERVAL), scanned) < 0) {
+                note(LIMIT, content);
+                note(STAGE, AT_TEST);
+            } else {
+                note(LOOKED, noted(INTERVAL));
+                note(LIMIT, content);
+                note(LIMIT_WAITED, segment >= History.PASSED ? segment - 1 : 0);
+                beginScan(scanned, CHOICE);
+            }
+        }
+
+        /** In which part of a form that has its slots at a place a segment went on; -1 if it began outside. */
+        private int indexWithin(int program, int waited, int content) {
+            int inner = store.word(program, history.placeOf(waited)) >>> SLOT_SHIFT;
+            for (int i = 0; i < MAX_LEVEL && inner != 0; i++) {
+                int around = store.word(program, inner - 2) >>> SLOT_SHIFT;
+                if (around == content) {
+                    return store.word(program, inner - 1) & INDEX_MASK;
+                }
+                inner = around;
+            }
+            return -1;
+        }
+
+        /** The value with which a segment went on; 0 if it is not known yet. */
+        private long giftOf(int interval, int segment) {
+            if (segment == History.END) {
+                return history.giftOf(interval);
+            }
+            if (segment - 1 == history.firstPassedOf(interval)) {
+                return history.firstGiftOf(interval);
+            }
+            note(LOOKED, interval);
+            note(LIMIT, 0);
+            note(LIMIT_WAITED, segment - 1);
+            beginScan(History.PASSED, GIFT);
+            return 0;
+        }
+
+        /** Goes on behind a test, by what it came to. */
+        private void choose() {
+            if (noted(STAGE) == AT_CHOICE) {
+                int act = history.actOf(noted(INTERVAL), noted(SEGMENT));
+                int program = history.programOf(act);
+                if (isLoaded(program)) {
+                    int content = store.word(program, noted(PLACE)) >>> SLOT_SHIFT;
+                    note(PLACE, content + 2 - noted(OUTCOME));
+                    note(STAGE, AT_PART);
+                }
+            } else {
+                note(STAGE, AT_SCAN);
+                note(TESTS_SEEN, noted(TESTS_SEEN) + 1);
+                int content = at(levels, levelsUsed - 2) >>> SLOT_SHIFT;
+                levelsUsed -= 2;
+                note(FORM, -1);
+                note(FORM_PLACE, content + 2 - noted(OUTCOME));
+            }
+        }
+
+        // ---- arguments
+
+        /** Goes on to the argument that a variable is bound to. */
+        private void beginArgument(int activation, int place) {
+            if ((place & REST) == 0) {
+                follow(activation, ARGUMENTS, place);
+            } else {
+                note(INTERVAL, activation);
+                note(PLACE, place & REST - 1);
+                note(STAGE, AT_REST);
+            }
+        }
+
+        /** The list of the arguments of an activation from one on. */
+        static long view(int activation, int index, int count) {
+            long place = (long) index << VALUE_BITS + INTERVAL_BITS;
+            long ofAll = (long) count << VALUE_BITS + INTERVAL_BITS + COUNT_BITS;
+            return index < count ? VIEW | (long) activation << VALUE_BITS | place | ofAll : EMPTY;
+        }
+
+        private static int activationOf(long view) {
+            return (int) (view >>> VALUE_BITS) & INTERVAL_MASK;
+        }
+
+        private static int indexOf(long view) {
+            return (int) (view >>> VALUE_BITS + INTERVAL_BITS) & COUNT_MASK;
+        }
+
+        private static int countOf(long view) {
+            return (int) (view >>> VALUE_BITS + INTERVAL_BITS + COUNT_BITS) & COUNT_MASK;
+        }
+
+        private int countOfArguments(int activation) {
+            if (history.extraOf(activation, History.ONE_EXTRA) != 0) {
+                return 1;
+            }
+            int extra = history.extraOf(activation, History.ARGUMENTS_EXTRA);
+            extra = extra == 0 ? history.extraOf(activation, History.LIST_EXTRA) : extra;
+            extra = extra == 0 ? history.extraOf(activation, History.COUNT_EXTRA) : extra;
+            return extra == 0 ? 0 : history.infoOf(extra);
+        }
+
+        /** What the argument at hand is; 0 if it is not known yet. */
+        private long lookAtArgument() {
+            int activation = noted(INTERVAL);
+            int index = noted(PLACE);
+            long found = knownPart(activation, ARGUMENTS, index);
+            if (found != 0) {
+                return found;
+            }
+            int extra = history.extraOf(activation, History.ARGUMENTS_EXTRA);
+            if (extra != 0) {
+                return history.word(extra + 1 + index);
+            }
+            extra = history.extraOf(activation, History.ONE_EXTRA);
+            if (extra != 0) {
+                return history.word(extra + 1);
+            }
+            extra = history.extraOf(activation, History.LIST_EXTRA);
+            if (extra != 0) {
+                return argumentOfList(activation, history.word(extra + 1), index);
+            }
+            // The call is what the interval before ended with.
+            int program = history.programOf(history.actOf(activation - 1, History.END));
+            if (isLoaded(program)) {
+                int call = store.word(program, history.placeOf(activation - 1)) >>> SLOT_SHIFT;
+                follow(activation - 1, History.END, call + 1 + index);
+            }
+            return 0;
+        }
+
+        private long argumentOfList(int activation, long list, int index) {
+            int from = index / TAIL_STEP * TAIL_STEP;
+            long tail = knownPart(activation, TAILS, from);
+            if (tail == 0 && from > 0) {
+                from -= TAIL_STEP;
+                tail = knownPart(activation, TAILS, from);
+            }
+            from = tail == 0 ? 0 : from;
+            tail = tail == 0 ? list : tail;
+            int at = from;
+            for (; at < index && tail != 0 && tagOf(tail) != VIEW; at++) {
+                if (at % TAIL_STEP == 0) {
+                    know(activation, TAILS, at, tail);
+                }
+                tail = restOf(tail);
+            }
+            if (tagOf(tail) == VIEW) {
+                follow(activationOf(tail), ARGUMENTS, indexOf(tail) + index - at);
+                return 0;
+            }
+            return tail == 0 ? 0 : plainFirst(tail);
         }
 
         // ---- lists
 
-        boolean isPair(int cell) {
-            int cellKind = heap.kindOf(cell);
-            return cellKind == PAIR || cellKind == VIEW || cellKind == QUOTED;
+        /** The first part of a pair; 0 if it is being looked for, or a program is wanted for it. */
+        long firstOf(long pair) {
+            return tagOf(pair) == VIEW ? partOf(activationOf(pair), ARGUMENTS, indexOf(pair)) : plainFirst(pair);
         }
 
-        /** The first part of a pair; 0 if something is wanted for it first. */
-        int firstOf(int pair) {
-            int base = heap.at(pair, ITEM);
-            boolean isOfRow = heap.kindOf(pair) == VIEW && isRow(base);
-            return isOfRow ? variable(0, base, heap.at(pair, NEXT), true) : partOf(pair);
+        private long plainFirst(long pair) {
+            int place = (int) (pair >>> VALUE_BITS);
+            if (tagOf(pair) == QUOTED) {
+                int program = (int) (pair >>> VALUE_BITS + OFFSET_BITS);
+                return isLoaded(program) ? store.plainValue(program, store.word(program, place & OFFSET_MASK)) : 0;
+            }
+            return place >= LAID ? store.valueOf(store.firstOf((int) (place - LAID))) : history.log.get(place);
         }
 
-        /** The first part of a pair that is not of a row; 0 if a program is wanted for it first. */
-        private int partOf(int pair) {
-            int base = heap.at(pair, ITEM);
-            switch (heap.kindOf(pair)) {
+        /** The other part of a pair; 0 if a program is wanted for it. */
+        long restOf(long pair) {
+            int place = (int) (pair >>> VALUE_BITS);
+            switch (tagOf(pair)) {
                 case VIEW:
-                    return heap.at(base, FIRST);
+                    return view(activationOf(pair), indexOf(pair) + 1, countOf(pair));
                 case QUOTED:
-                    int program = base >>> OFFSET_BITS;
-                    int part = store.word(program, base & OFFSET_MASK);
-                    if (!store.isLoaded(program)) {
-                        wanted = -program;
-                        return 0;
-                    }
-                    return (part & 1) == 0 ? part >>> 1 : heap.make(QUOTED, 0, program << OFFSET_BITS | part >>> 1, 0, 0);
+                    int program = (int) (pair >>> VALUE_BITS + OFFSET_BITS);
+                    return isLoaded(program)
+                            ? store.plainValue(program, store.word(program, (place & OFFSET_MASK) + 1))
+                            : 0;
                 default:
-                    return base;
+                    return place >= LAID ? store.valueOf(store.restOf((int) (place - LAID))) : history.log.get(place + 1);
             }
         }
 
-        /** The other part of a pair; 0 if a program is wanted for it first. */
-        int restOf(int pair) {
-            return heap.kindOf(pair) == PAIR ? heap.at(pair, REST) : tailOf(pair, 1);
-        }
-
-        /**
-         * What is left of a list behind so many parts; 0 if a program is wanted for it first. A copy is known by its stamp;
-         * what is left of it is a copy, too.
-         */
-        int tailOf(int list, int parts) {
-            int base = list;
-            int place = 0;
-            int stamp = 0;
-            int count = 0;
-            int left = parts;
-            for (int i = 0; i < MAX_CELLS; i++) {
-                int cellKind = heap.kindOf(base);
-                if (cellKind == VIEW) {
-                    stamp = stamp != 0 ? stamp : heap.at(base, STAMP);
-                    place = heap.at(base, NEXT);
-                    count = heap.noteOf(base);
-                    base = heap.at(base, ITEM);
-                    cellKind = heap.kindOf(base);
-                }
-                if (cellKind >= ITEMS && cellKind <= LISTED) {
-                    return place + left < count ? heap.make(VIEW, count, base, place + left, stamp) : EMPTY_CELL;
-                }
-                if (cellKind == QUOTED) {
-                    stamp = stamp != 0 ? stamp : heap.at(base, STAMP);
-                    int address = heap.at(base, ITEM);
-                    int program = address >>> OFFSET_BITS;
-                    if (left > 0 && !store.isLoaded(program)) {
-                        wanted = -program;
-                        return 0;
-                    }
-                    int pair = (address & OFFSET_MASK) << 1 | 1;
-                    for (int j = 0; j < MAX_SIZE && left > 0 && (pair & 1) != 0; j++) {
-                        pair = store.word(program, (pair >>> 1) + 1);
-                        left--;
-                    }
-                    if ((pair & 1) != 0) {
-                        return heap.make(QUOTED, 0, program << OFFSET_BITS | pair >>> 1, 0, stamp);
-                    }
-                    base = pair >>> 1;
-                } else if (left > 0 && cellKind == PAIR) {
-                    base = heap.at(base, REST);
-                    left--;
-                } else {
-                    return stamp != 0 && cellKind == PAIR ? heap.make(VIEW, 0, base, 0, stamp) : base;
-                }
+        /** What is left of a list behind so many parts; 0 if a program is wanted for it. */
+        long tailOf(long list, int count) {
+            long tail = list;
+            for (int i = 0; i < count && isPairValue(tail); i++) {
+                tail = restOf(tail);
             }
-            return 0;
+            return tail;
         }
 
-        /** A copy of a list, of which only the pairs are new. */
-        int copyOf(int list) {
-            int stamp = nextStamp();
-            switch (heap.kindOf(list)) {
-                case PAIR:
-                    return heap.make(VIEW, 0, list, 0, stamp);
-                case VIEW:
-                    return heap.make(VIEW, heap.noteOf(list), heap.at(list, ITEM), heap.at(list, NEXT), stamp);
-                case QUOTED:
-                    return heap.make(QUOTED, 0, heap.at(list, ITEM), 0, stamp);
-                default:
-                    return list;
-            }
-        }
-
-        /** A new pair, which bears the length of its list, if that is known, so that it is not counted again and again. */
-        int pairOf(int first, int rest) {
-            int length = quickLength(rest);
-            int measure = length >= 0 ? NO_LENGTH - 2 - length : length == NO_LENGTH ? length : 0;
-            return heap.make(PAIR, 0, first, rest, measure);
-        }
-
-        /** The length of a list if it is known; NO_LENGTH if it is no list, UNKNOWN_LENGTH if it must be counted. */
-        private int quickLength(int list) {
-            boolean isView = heap.kindOf(list) == VIEW;
-            int cell = isView ? heap.at(list, ITEM) : list;
-            switch (heap.kindOf(cell)) {
-                case EMPTY:
-                    return 0;
-                case PAIR:
-                    int noted = heap.at(cell, MEASURE);
-                    return noted >= 0 ? UNKNOWN_LENGTH : noted == NO_LENGTH ? NO_LENGTH : NO_LENGTH - 1 - noted;
-                case QUOTED:
-                    return UNKNOWN_LENGTH;
-                default:
-                    return isView ? heap.noteOf(list) - heap.at(list, NEXT) : NO_LENGTH;
-            }
-        }
-
-        /** The number of parts of a list; -1 if it does not end with the empty list, or if a program is wanted first. */
-        int lengthOf(int list) {
-            int cell = list;
+        /** The number of parts of a list; -1 if it does not end with the empty list, or if a program is wanted for it. */
+        int lengthOf(long list) {
+            long tail = list;
             int length = 0;
-            for (int i = 0; i < MAX_CELLS; i++) {
-                int left = quickLength(cell);
-                if (left != UNKNOWN_LENGTH) {
-                    return left == NO_LENGTH ? -1 : length + left;
-                }
-                if (heap.kindOf(cell) == QUOTED) {
-                    int pairs = countOfPairs(heap.at(cell, ITEM));
-                    length += pairs;
-                    cell = tailOf(cell, pairs);
-                    if (cell == 0) {
-                        return -1;
-                    }
+            for (int i = 0; i < MAX_STEPS && isPairValue(tail); i++) {
+                if (tagOf(tail) == VIEW) {
+                    length += countOf(tail) - indexOf(tail);
+                    tail = EMPTY;
                 } else {
-                    cell = heap.at(heap.kindOf(cell) == VIEW ? heap.at(cell, ITEM) : cell, REST);
                     length++;
+                    tail = restOf(tail);
                 }
             }
-            return -1;
+            return tail == EMPTY ? length : -1;
         }
 
-        /** How many pairs of a program follow one another from one on; 1 if the program is wanted first. */
-        private int countOfPairs(int address) {
-            int program = address >>> OFFSET_BITS;
-            int pair = (address & OFFSET_MASK) << 1 | 1;
-            int count = 0;
-            for (; count < MAX_SIZE && (pair & 1) != 0; count++) {
-                pair = store.word(program, (pair >>> 1) + 1);
+        /** The same list, but not one of arguments that are a list themselves; 0 if a program is wanted for it. */
+        long plainList(long list) {
+            long plain = list;
+            int extra = tagOf(plain) == VIEW ? history.extraOf(activationOf(plain), History.LIST_EXTRA) : 0;
+            for (int i = 0; i < MAX_STEPS && extra != 0; i++) {
+                int passed = indexOf(plain);
+                plain = history.word(extra + 1);
+                for (int j = 0; j < passed && isPairValue(plain); j++) {
+                    plain = restOf(plain);
+                }
+                extra = tagOf(plain) == VIEW ? history.extraOf(activationOf(plain), History.LIST_EXTRA) : 0;
             }
-            return count;
+            return plain;
         }
 
-        // ---- primitives
+        // ---- variables
 
-        /** What a primitive comes to, but for first and rest; below 0 is an error: minus its letter. */
-        int answer(int symbol, int one, int other) {
-            switch (symbol) {
-                case 16:
-                    return pairOf(one, other);
-                case 19:
-                    return truthCell(isPair(one));
-                case 20:
-                    return truthCell(one == EMPTY_CELL);
-                case 21:
-                    return truthCell(heap.areSame(one, other));
-                case 25:
-                    return truthCell(one == FALSE_CELL);
-                default:
-                    return heap.kindOf(one) == NUMBER && heap.kindOf(other) == NUMBER ? reckon(symbol, one, other) : -'t';
-            }
+        /** Begins to look for a variable, as it was ahead of the part at hand. */
+        private void beginSearch(int target, int place) {
+            int segment = noted(SEGMENT);
+            note(TARGET, target);
+            note(TARGET_PLACE, place);
+            note(LOOKED, noted(INTERVAL));
+            note(NEXT, segment == History.END ? FROM_END : segment == History.START ? FROM_START : FROM_PASSED);
+            note(CEILING, 0);
+            note(LIMIT, noted(PLACE));
+            note(LIMIT_WAITED, segment >= History.PASSED ? segment - 1 : 0);
+            note(STAGE, AT_SEARCH);
         }
 
-        private static int truthCell(boolean isTrue) {
-            return isTrue ? TRUE_CELL : FALSE_CELL;
-        }
-
-        /** The primitives of numbers. No product of two parts in range is over 10 to the 18th: nothing wraps around. */
-        private int reckon(int symbol, int one, int other) {
-            long a = heap.at(one, AMOUNT);
-            long b = heap.at(one, DENOMINATOR);
-            long c = heap.at(other, AMOUNT);
-            long d = heap.at(other, DENOMINATOR);
-            int number;
-            switch (symbol) {
-                case 10:
-                    number = Store.fraction(heap, a * d + c * b, b * d);
-                    break;
-                case 11:
-                    number = Store.fraction(heap, a * d - c * b, b * d);
-                    break;
-                case 12:
-                    number = Store.fraction(heap, a * c, b * d);
-                    break;
-                case 13:
-                    if (c == 0) {
-                        return -'z';
+        /** What the variable was; 0 if it is not known yet. */
+        private long search() {
+            int target = noted(TARGET);
+            int place = noted(TARGET_PLACE);
+            for (int i = 0; i < MAX_STEPS && noted(STAGE) == AT_SEARCH; i++) {
+                int interval = noted(LOOKED);
+                int next = noted(NEXT);
+                if (next == BEFORE) {
+                    if (!isEarlierFound(target, place)) {
+                        return initial(target, place);
                     }
-                    number = Store.fraction(heap, a * d, b * c);
-                    break;
-                case 14:
-                    return truthCell(a * d < c * b);
-                default:
-                    return truthCell(a == c && b == d);
-            }
-            return number == 0 ? -'o' : number;
-        }
-    }
-
-    /**
-     * The variables: what they are set to, and what they were at the time of an episode that is looked at again.
-     *
-     * <p>What an episode sets are its settings, up to its end; then they become versions of the variables, as something may
-     * look back: a SETTING of one variable; the SETTINGS of an episode, if there are more, which are looked for in its code;
-     * or ALL_SET, the values of all variables. The newest version stands in place of the row in the environment, each one
-     * knows the one before, and the row is the last; a stamp is that of the episode that set it. The global variables are an
-     * environment, too, 0.
-     *
-     * <p>Environments of which variables are set together again and again are a group: an episode makes one cell for all of
-     * them, GROUP_SETTINGS, and GROUPED is the version of each one. What it was before it came to the group is before that.
-     */
-    private static final class Variables {
-        private static final int MOST_SETTINGS = 2;
-        private static final int MOST_AT_END = 12;
-        private static final int MASK_BITS = 23;
-        private static final int HEADS = 1024;
-        private static final int HEADS_SHIFT = 22;
-        private static final int MEMOS = 64;
-        private static final int MEMO_SHIFT = 26;
-        // How many versions there may be until all variables are held: more of them if there are more variables.
-        private static final int LEAST_LENGTH = 64;
-        private static final int MOST_GLOBAL = 64;
-        private static final int MOST_LOOKED = 256;
-        private static final int MAX_PLACES = 2048;
-        private static final int FEW_TOGETHER = 2; // environments that become a group
-        private static final int MEMO = 4;
-        static final int VERSION_FOUND = 2;
-        static final int MEMBER_FOUND = 3;
-
-        private final Heap heap;
-        private final Store store;
-        private final Values values;
-        // The settings of the episode at hand; found by their variables.
-        private final Row environments;
-        private final Row places;
-        private final Row contents;
-        private final Row nexts;
-        private final Row heads;
-        private final Row newest; // of the global variables
-        private int length; // how many versions there are since all global variables were held
-        int filling; // an environment whose variables are to be held as they are; or 0
-        private final Row filled;
-        // Where the version of an environment was found last.
-        private final Row memos;
-        private int memoCollections;
-
-        Variables(Heap heap, Store store, Values values) {
-            this.heap = heap;
-            this.store = store;
-            this.values = values;
-            environments = heap.newRoots(16, MAX_ROW);
-            places = new Row(16, MAX_ROW);
-            contents = heap.newRoots(16, MAX_ROW);
-            nexts = new Row(16, MAX_ROW);
-            heads = new Row(16, HEADS);
-            newest = heap.newRoots(1, 1);
-            filled = heap.newRoots(16, MAX_SIZE);
-            memos = new Row(MEMO * MEMOS, MEMO * MEMOS);
-            environments.used = 0;
-            contents.used = 0;
-            filled.used = 0;
-            newest.put(0, heap.make(ALL_SET, 0, globalRow(), 0, 0));
-        }
-
-        private int globalRow() {
-            filled.used = 0;
-            for (int symbol = 0; symbol < SYMBOLS; symbol++) {
-                filled.add(store.globalValue(symbol));
-            }
-            int row = values.plain(filled, 0, SYMBOLS);
-            filled.used = 0;
-            return row;
-        }
-
-        // ---- settings
-
-        private static int headOf(int environment, int place) {
-            return (environment * 31 + place) * 0x9E3779B1 >>> HEADS_SHIFT;
-        }
-
-        /** The setting of a variable in the episode at hand; -1 if there is none. */
-        private int settingOf(int environment, int place) {
-            int setting = environments.used > 0 ? heads.get(headOf(environment, place)) - 1 : -1;
-            for (int i = 0; i < MAX_ROW && setting >= 0; i++) {
-                if (places.get(setting) == place && environments.get(setting) == environment) {
-                    return setting;
+                    continue;
                 }
-                setting = nexts.get(setting) - 1;
-            }
-            return -1;
-        }
-
-        /** What a variable was set to in the episode at hand; Values.NONE if it was not. */
-        int justSet(int environment, int place) {
-            int setting = settingOf(environment, place);
-            return setting < 0 ? Values.NONE : contents.get(setting);
-        }
-
-        void set(int environment, int place, int value) {
-            int setting = settingOf(environment, place);
-            if (setting < 0) {
-                int head = headOf(environment, place);
-                setting = environments.used;
-                environments.put(setting, environment);
-                environments.used = setting + 1;
-                places.put(setting, place);
-                contents.used = setting + 1;
-                nexts.put(setting, heads.get(head));
-                heads.put(head, setting + 1);
-            }
-            contents.put(setting, value);
-        }
-
-        private void forgetSettings() {
-            for (int i = environments.used - 1; i >= 0; i--) {
-                heads.put(headOf(environments.get(i), places.get(i)), 0);
-            }
-            environments.used = 0;
-            contents.used = 0;
-        }
-
-        /** Forgets all that is at hand. */
-        void forgetAll() {
-            forgetSettings();
-            filling = 0;
-            filled.used = 0;
-            values.wanted = 0;
-        }
-
-        int countOfSettings() {
-            return environments.used;
-        }
-
-        /**
-         * Lets the settings of the episode at hand be versions, as it ends. If they are many, they are looked for in the
-         * episode; but not if its code does not tell where it ended. When a body ends, nothing of it is looked at again, so
-         * they may take the place of those that nothing looks at. If the episode is kept for its values, too, and the values
-         * that were set take cells, they are looked for in it, too.
-         */
-        void commit(int environment, boolean canBeAgain, boolean isEndOfBody, boolean isEpisodeKept) {
-            for (int i = 0; i < environments.used; i++) {
-                if (environments.get(i) != 0) {
-                    heap.know(environments.get(i), ~places.get(i), contents.get(i));
+                note(NEXT, next + 1);
+                boolean isNow = interval == history.now && history.isOpen;
+                long held = next == FROM_END && noted(LIMIT) == 0 && !isNow ? held(interval, target, place) : 0;
+                if (held == NOT_SET || isNow && !settings.mayBeSetNow(target, place)) {
+                    note(NEXT, BEFORE);
+                } else if (held != 0) {
+                    passed(target, place, interval);
+                    return held;
+                } else if (mayBeSet(interval, next, target)) {
+                    lookThrough(interval, next);
                 }
-            }
-            if (isEndOfBody) {
-                replaceVersions();
-            }
-            boolean isSetAgain = isEndOfBody && isUnseen(environments.get(0));
-            int most = isSetAgain ? MOST_AT_END : isEpisodeKept && hasCostly() ? 0 : MOST_SETTINGS;
-            boolean areMany = canBeAgain && environments.used > most;
-            int episode = areMany ? values.lastEpisode(environment) : 0;
-            int repeated = 0;
-            for (int i = 0; i < environments.used; i++) {
-                repeated += addVersion(i, episode) ? 1 : 0;
-            }
-            if (repeated >= FEW_TOGETHER) {
-                joinGroup();
-            }
-            if (length > MOST_GLOBAL) {
-                hold(0, globalRow());
-                length = 0;
-            }
-            forgetSettings();
-        }
-
-        /** Whether variables were set to values that take a cell if they are held. */
-        private boolean hasCostly() {
-            boolean isCostly = false;
-            for (int i = 0; i < contents.used && i <= MOST_SETTINGS; i++) {
-                isCostly = isCostly || values.isCostly(contents.get(i));
-            }
-            return isCostly;
-        }
-
-        /** Lets settings take the place of versions that no episode looks at; if that can be for all of them, none is left. */
-        private void replaceVersions() {
-            int found = 0;
-            for (int i = 0; i < environments.used && found == i; i++) {
-                found += replaceable(i) == 0 ? 0 : 1;
-            }
-            if (found == environments.used) {
-                for (int i = 0; i < found; i++) {
-                    heap.put(replaceable(i), ITEM, contents.get(i));
+                if (noted(STAGE) == AT_SEARCH) {
+                    note(LIMIT, 0);
+                    note(LIMIT_WAITED, 0);
                 }
-                forgetSettings();
-            }
-        }
-
-        /** Whether variables were set, and no episode was made since that sees it. */
-        private boolean isUnseen(int environment) {
-            boolean isSeen = environment == 0 ? values.isGlobalSeen : (heap.noteOf(environment) & SEEN) != 0;
-            return !isSeen && isVersion(newestOf(environment));
-        }
-
-        /** The version of a variable that was set whose value may be another one, as it is unseen; 0 if there is none. */
-        private int replaceable(int setting) {
-            int environment = environments.get(setting);
-            int version = newestOf(environment);
-            int stamp = heap.at(version, STAMP);
-            boolean isAlone = countOf(environment) == 1;
-            boolean isUnseen = isUnseen(environment);
-            for (int i = 0; i < MAX_PLACES && isUnseen && isVersion(version) && heap.at(version, STAMP) == stamp; i++) {
-                int cellKind = heap.kindOf(version);
-                boolean isOfIt = cellKind == SETTING && heap.noteOf(version) == places.get(setting);
-                if (isOfIt || isAlone && cellKind == ALL_SET) {
-                    return version;
-                }
-                version = cellKind == SETTING ? heap.at(version, NEXT) : 0;
             }
             return 0;
         }
 
-        /** Lets a setting be a version, or be among those of the episode; 0 is none. Whether others were so the last time. */
-        private boolean addVersion(int setting, int episode) {
-            int target = environments.get(setting);
-            int place = places.get(setting);
-            int stamp = values.lastStamp();
-            int before = newestOf(target);
-            int bit = 1 << place % MASK_BITS;
-            if (episode != 0 && heap.kindOf(before) == GROUPED) {
-                int settings = groupSettings(heap.noteOf(before), episode, stamp);
-                heap.setNote(settings, heap.noteOf(settings) | 1 << bitOf(target, place));
-                if (heap.at(before, ITEM) != settings) {
-                    heap.put(before, ITEM, settings);
-                    note(target);
-                }
-                return false;
+        private long initial(int target, int place) {
+            if (target != 0) {
+                beginArgument(target, place);
+                return 0;
             }
-            if (heap.kindOf(before) == SETTINGS && heap.at(before, STAMP) == stamp) {
-                heap.setNote(before, heap.noteOf(before) | bit);
-                return false;
-            }
-            if (episode == 0 && countOf(target) == 1) {
-                setNewest(target, heap.make(ALL_SET, furtherThan(target, before), contents.get(setting), before, stamp));
-                return false;
-            }
-            setNewest(target, episode == 0
-                    ? heap.make(SETTING, place, contents.get(setting), before, stamp)
-                    : heap.make(SETTINGS, bit, episode, before, stamp));
-            note(target);
-            return episode != 0 && target != 0 && heap.kindOf(before) == SETTINGS;
+            return place >= FIRST_PRIMITIVE && place <= LAST_PRIMITIVE ? primitiveValue(place) : NOTHING;
         }
 
-        /** A version further back in which all variables are held, of one variable: one of many is known to those behind it. */
-        private int furtherThan(int environment, int before) {
-            int count = (heap.noteOf(environment) & ~SEEN) + 1 & SEEN - 1;
-            heap.setNote(environment, count);
-            boolean isHere = count % LEAST_LENGTH == 0 || heap.kindOf(before) != ALL_SET || heap.noteOf(before) == 0;
-            return isHere ? fullAt(before) : heap.noteOf(before);
-        }
-
-        // ---- groups
-
-        private static int bitOf(int environment, int place) {
-            return ((environment * 31 + place) * 0x9E3779B1 >>> 1) % MASK_BITS;
-        }
-
-        /** The settings of a group in an episode; they are made if they are the first ones in it. */
-        private int groupSettings(int group, int episode, int stamp) {
-            int settings = heap.at(group, ITEM);
-            if (settings == 0 || heap.at(settings, STAMP) != stamp) {
-                settings = heap.make(GROUP_SETTINGS, 0, episode, settings, stamp);
-                heap.put(group, ITEM, settings);
+        /** What a variable was set to in an interval, if that is held; NOT_SET if it was not set in it; 0 if it may have been. */
+        private long held(int interval, int target, int place) {
+            int filter = history.extraOf(interval, History.FILTER_EXTRA);
+            if (filter != 0 && !settings.mayBeIn(history.infoOf(filter), target, place)) {
+                return NOT_SET;
             }
-            return settings;
-        }
-
-        /** Lets the environments be in a group that were set in the episode at hand, and in another one the last time. */
-        private void joinGroup() {
-            int stamp = values.lastStamp();
-            int group = 0;
-            for (int i = 0; i < environments.used && group == 0; i++) {
-                int version = newestOf(environments.get(i));
-                group = heap.kindOf(version) == GROUPED ? heap.noteOf(version) : 0;
-            }
-            group = group == 0 ? heap.make(GROUP, 0, 0, 0, 0) : group;
-            for (int i = 0; i < environments.used; i++) {
-                int version = newestOf(environments.get(i));
-                boolean isRepeated = heap.kindOf(version) == SETTINGS && heap.kindOf(heap.at(version, NEXT)) == SETTINGS;
-                if (environments.get(i) != 0 && isRepeated) {
-                    setNewest(environments.get(i), heap.make(GROUPED, group, 0, version, stamp));
+            int extra = history.extraOf(interval, History.SETTINGS_EXTRA);
+            int count = extra == 0 ? 0 : history.infoOf(extra);
+            long key = keyOfSetting(target, place);
+            for (int i = 0; i < count; i++) {
+                if (history.word(extra + 1 + 2 * i) == key) {
+                    return history.word(extra + 2 + 2 * i);
                 }
             }
+            return extra == 0 ? 0 : NOT_SET;
         }
 
-        /** Settings of a group, if they came behind a member of it; otherwise what that was before. */
-        private int settingsOrBefore(int settings, int member) {
-            boolean isOfMember = settings != 0 && heap.at(settings, STAMP) > heap.at(member, STAMP);
-            return isOfMember ? settings : heap.at(member, NEXT);
+        /** How a variable is named among the settings that an interval holds. */
+        static long keyOfSetting(int target, int place) {
+            return (long) target << SEGMENT_BITS | place;
         }
 
-        // ---- versions
-
-        private boolean isVersion(int cell) {
-            int cellKind = heap.kindOf(cell);
-            return cellKind >= SETTING && cellKind <= ALL_SET;
-        }
-
-        /** The newest version of the variables of an environment; their row if they were never set. */
-        int newestOf(int environment) {
-            return environment == 0 ? newest.get(0) : heap.at(environment, ITEM);
-        }
-
-        private void setNewest(int environment, int version) {
-            if (environment == 0) {
-                newest.put(0, version);
-                values.isGlobalSeen = false;
-            } else {
-                heap.put(environment, ITEM, version);
-                heap.setNote(environment, heap.noteOf(environment) & ~SEEN);
+        /** Whether the variable may have been set in what is next in an interval. */
+        private boolean mayBeSet(int interval, int next, int target) {
+            int flags = history.flagsOf(interval);
+            if (next == FROM_PASSED) {
+                return (flags & History.PASSED_SET) != 0;
             }
+            boolean isStart = next == FROM_START;
+            if ((flags & (isStart ? History.START_SET : History.END_SET)) == 0) {
+                return false;
+            }
+            int act = history.actOf(interval, isStart ? History.START : History.END);
+            return depthOf(history.environmentOf(act), target) != NONE;
         }
 
-        /** How many variables an environment has. */
-        private int countOf(int environment) {
-            if (environment == 0) {
-                return SYMBOLS;
-            }
-            return heap.kindOf(environment) == ONE_ENVIRONMENT ? 1 : heap.at(environment, EXTRA) & COUNT_MASK;
-        }
-
-        /** Notes that there is one version more; if there are many, all variables are to be held. */
-        private void note(int environment) {
-            if (environment == 0) {
-                length++;
-                return;
-            }
-            heap.setNote(environment, heap.noteOf(environment) + 1);
-            if ((heap.noteOf(environment) & ~SEEN) > Math.max(LEAST_LENGTH, countOf(environment))) {
-                filling = environment;
-                filled.used = 0;
-            }
-        }
-
-        /** Lets the newest version hold all variables; a group is left for that. */
-        private void hold(int environment, int row) {
-            int version = newestOf(environment);
-            if (heap.kindOf(version) == GROUPED) {
-                int stamp = Math.max(heap.at(version, STAMP), heap.at(heap.at(version, ITEM), STAMP));
-                setNewest(environment, heap.make(ALL_SET, fullAt(version), row, version, stamp));
-            } else {
-                heap.remake(version, ALL_SET, fullAt(heap.at(version, NEXT)), row, heap.at(version, NEXT));
-            }
-        }
-
-        /** The version in which all variables are held that is the newest one, from one on; 0 if there is none. */
-        private int fullAt(int version) {
-            int full = version;
-            for (int i = 0; i < MAX_ROW && isVersion(full) && heap.kindOf(full) != ALL_SET; i++) {
-                full = heap.at(full, NEXT);
-            }
-            return isVersion(full) ? full : 0;
-        }
-
-        /**
-         * Goes on with letting the variables of an environment be held as they are. Those that no version set since all were
-         * held are looked for where that was.
-         */
-        void goOnFilling() {
-            int count = countOf(filling);
-            int masks = 0;
-            int groupMasks = 0;
-            int member = 0;
-            int version = newestOf(filling);
-            for (int i = 0; i < MAX_STEPS && isInChain(version) && heap.kindOf(version) != ALL_SET; i++) {
-                int cellKind = heap.kindOf(version);
-                int mask = heap.noteOf(version);
-                masks |= cellKind == SETTINGS ? mask : cellKind == SETTING ? 1 << mask % MASK_BITS : 0;
-                groupMasks |= cellKind == GROUP_SETTINGS ? mask : 0;
-                member = cellKind == GROUPED ? version : member;
-                version = before(version, member);
-            }
-            int row = heap.kindOf(version) == ALL_SET ? heap.at(version, ITEM) : version;
-            for (int i = 0; i < MOST_LOOKED && filled.used < count; i++) {
-                int place = filled.used;
-                boolean isSet = ((masks >> place % MASK_BITS | groupMasks >> bitOf(filling, place)) & 1) != 0;
-                int value = isSet ? valueOf(filling, place) : values.variable(filling, row, place, false);
-                if (values.wanted != 0) {
-                    return;
-                }
-                filled.add(value);
-            }
-            if (filled.used < count) {
-                return;
-            }
-            hold(filling, values.plain(filled, 0, count));
-            heap.setNote(filling, heap.noteOf(filling) & SEEN);
-            filling = 0;
-            filled.used = 0;
-        }
-
-        // ---- values
-
-        /** The environment of a variable of code. */
-        int around(int environment, int slot) {
+        /** How far out an environment is, seen from another one; NONE if it is not around that. */
+        private int depthOf(int environment, int target) {
             int around = environment;
-            for (int i = slot >>> DEPTH_OUT_SHIFT; i > 0; i--) {
-                around = heap.at(around, NEXT);
+            int out = 0;
+            for (int i = 0; i < MAX_LEVEL && around > target; i++) {
+                around = history.around(around);
+                out++;
             }
-            return around;
+            return target == 0 ? GLOBAL_DEPTH : around == target ? out : NONE;
         }
 
-        static int placeOf(int slot) {
-            return slot >> SLOT_SHIFT & PLACE_MASK;
-        }
-
-        /**
-         * What a variable is now, but for what the episode at hand set it to, if it is none that is global; 0 if it has no
-         * value, or if something is wanted first.
-         */
-        int valueOf(int environment, int place) {
-            if (environment == 0) {
-                return store.globalValue(place);
-            }
-            int version = newestOf(environment);
-            if (!isVersion(version)) {
-                return values.variable(environment, version, place, false);
-            }
-            for (int i = 0; i < LEAST_LENGTH && heap.kindOf(version) == SETTING; i++) {
-                if (heap.noteOf(version) == place) {
-                    return heap.at(version, ITEM);
+        /** Begins to look through a part of an interval for the last setting, if that was not looked through just before. */
+        private void lookThrough(int interval, int next) {
+            int scanned = next == FROM_END ? History.END : next == FROM_START ? History.START : History.PASSED;
+            boolean isStopped = (history.flagsOf(interval) & History.STOPPED) != 0;
+            boolean isWhole = noted(LIMIT) == 0;
+            if (isWhole && settings.isWalked(keyOfWalk(interval, scanned))) {
+                long where = settings.walked(noted(TARGET), noted(TARGET_PLACE));
+                int segment = scanned == History.PASSED ? (int) (where >>> OFFSET_BITS) + 1 : scanned;
+                if (where != 0) {
+                    passed(noted(TARGET), noted(TARGET_PLACE), interval);
+                    follow(interval, segment, (int) where & OFFSET_MASK);
                 }
-                version = heap.at(version, NEXT);
+                return;
             }
-            return heap.kindOf(version) == ALL_SET
-                    ? values.plainAt(heap.at(version, ITEM), place)
-                    : values.knownVariable(environment, place);
+            if (scanned == History.END && isWhole && isStopped) {
+                note(LIMIT, history.placeOf(interval));
+            }
+            note(WALKED, isWhole && !isStopped ? 1 : 0);
+            beginScan(scanned, SETTING);
         }
 
-        /** Whether a cell is one of a chain of versions, and not the row at its end. */
-        boolean isInChain(int cell) {
-            int cellKind = heap.kindOf(cell);
-            return cellKind >= SETTING && cellKind <= GROUP_SETTINGS && cellKind != GROUP;
+        private static long keyOfWalk(int interval, int scanned) {
+            return (long) interval << 4 | scanned << 1;
         }
 
-        /** Whether a variable may have been set in a version. */
-        boolean mayBeSet(int version, int environment, int place) {
-            switch (heap.kindOf(version)) {
-                case SETTING:
-                    return heap.noteOf(version) == place;
-                case SETTINGS:
-                    return (heap.noteOf(version) >> place % MASK_BITS & 1) != 0;
-                case GROUP_SETTINGS:
-                    return (heap.noteOf(version) >> bitOf(environment, place) & 1) != 0;
-                default:
-                    return heap.kindOf(version) == ALL_SET;
+        /** Looks whether it is known what is on the way through an END. */
+        private void lookForWay() {
+            int interval = noted(LOOKED);
+            int waited = noted(WAITED);
+            int act = history.actOf(interval, History.END);
+            boolean isSetting = noted(PURPOSE) == SETTING;
+            int out = isSetting ? depthOf(history.environmentOf(act), noted(TARGET)) : 0;
+            int start = waited == 0
+                    ? history.codeOf(act)
+                    : history.programOf(act) << OFFSET_BITS | history.placeOf(waited);
+            putWord(way, 0, start | (long) noted(LIMIT) << 30 | (long) out << 51);
+            putWord(way, 1, history.keyOfTests(interval));
+            int found = knownWay();
+            note(WAY, wordAt(way, 1) != 0 ? 1 : 0);
+            note(STAGE, AT_SEGMENT);
+            if (found > 0 && isSetting) {
+                passed(noted(TARGET), noted(TARGET_PLACE), interval);
+                follow(interval, History.END, found);
+            } else if (found > 0) {
+                note(PLACE, found);
+                note(STAGE, AT_PART);
+            } else if (found == NONE) {
+                note(LIMIT, 0);
+                note(STAGE, AT_SEARCH);
             }
         }
 
-        /** What is before a version, where it is one of a group by this member. */
-        int before(int version, int member) {
-            boolean isGrouped = heap.kindOf(version) == GROUPED;
-            int before = heap.at(version, isGrouped ? ITEM : NEXT);
-            return isGrouped || heap.kindOf(version) == GROUP_SETTINGS ? settingsOrBefore(before, member) : before;
-        }
-
-        int sought(int memo, int which) {
-            return memos.get(memo + which);
-        }
-
-        /** Lets nothing be noted by its time. */
-        void forgetPlaces() {
-            memos.fillWithZeros();
-        }
-
-        /** Where the newest version is noted, and its group, of those that are older than this time. */
-        int seek(int environment, int time) {
-            if (memoCollections != heap.collections) {
-                memos.fillWithZeros();
-                memoCollections = heap.collections;
+        /** Whether there is an earlier interval in which the variable may have been set; that is looked at next then. */
+        private boolean isEarlierFound(int target, int place) {
+            int looked = noted(LOOKED);
+            if (noted(CEILING) == 0) {
+                note(CEILING, looked);
             }
-            int memo = MEMO * (environment * 0x9E3779B1 >>> MEMO_SHIFT);
-            boolean isKnown = memos.get(memo) == environment + 1 && time <= memos.get(memo + 1);
-            int version = isKnown ? memos.get(memo + VERSION_FOUND) : newestOf(environment);
-            int member = isKnown ? memos.get(memo + MEMBER_FOUND) : 0;
-            for (int i = 0; i < MAX_STEPS && isInChain(version); i++) {
-                int cellKind = heap.kindOf(version);
-                boolean isLater = heap.at(version, STAMP) >= time;
-                if (!isLater && cellKind != GROUPED) {
-                    break;
+            int row = rowOfPass(target, place);
+            long pass = wordAt(passes, row) == keyOf(target, 0, place) ? wordAt(passes, row + 1) : 0;
+            int from = (int) pass & INTERVAL_MASK;
+            int to = (int) (pass >>> INTERVAL_BITS);
+            int found;
+            if (to != 0 && looked > from && looked <= to) {
+                found = from;
+            } else {
+                int lowest = to != 0 && looked > to ? to : Math.max(1, target);
+                found = settings.lastSetting(target, place, looked, lowest);
+                found = found == 0 && lowest == to ? from : found;
+            }
+            if (found == 0) {
+                passed(target, place, 0);
+                return false;
+            }
+            note(LOOKED, found);
+            note(NEXT, FROM_END);
+            return true;
+        }
+
+        private int rowOfPass(int target, int place) {
+            int hash = (target * 0x9E3779B1 + place * 0x7FEB352D) * 0x85EBCA6B;
+            return (hash >>> 8) % (passes.length >> 1) << 1;
+        }
+
+        /** Keeps it that a variable was not set between an interval and where the search began. */
+        private void passed(int target, int place, int interval) {
+            int ceiling = noted(CEILING);
+            if (ceiling != 0) {
+                int row = rowOfPass(target, place);
+                putWord(passes, row, keyOf(target, 0, place));
+                putWord(passes, row + 1, interval | (long) ceiling << INTERVAL_BITS);
+            }
+        }
+
+        // ---- looking through segments
+
+        private void beginScan(int scanned, int purpose) {
+            int interval = noted(LOOKED);
+            note(WALKED, purpose == SETTING ? noted(WALKED) : 0);
+            note(SCANNED, scanned);
+            note(PURPOSE, purpose);
+            note(WAITED, scanned == History.END ? history.waitedOf(interval, History.END) : 0);
+            note(TESTS_SEEN, 0);
+            note(LAST_WAITED, 0);
+            note(LAST, 0);
+            note(LAST_FORM, 0);
+            note(STAGE, scanned == History.END && purpose != GIFT ? AT_WAY : AT_SEGMENT);
+        }
+
+        /** Begins to look through a segment. */
+        private void openSegment() {
+            int waited = noted(WAITED);
+            if (waited == 0 && noted(SCANNED) == History.PASSED) {
+                waited = history.firstPassedOf(noted(LOOKED));
+                note(WAITED, waited);
+            }
+            int act = waited != 0 ? history.actOf(waited, History.END) : noted(LOOKED);
+            int program = history.programOf(act);
+            if (!isLoaded(program)) {
+                return;
+            }
+            levelsUsed = noted(BOTTOM);
+            note(FORM, 0);
+            note(FORM_PLACE, 0);
+            if (waited == 0) {
+                int body = (history.codeOf(act) & OFFSET_MASK) + BODY_PLACE;
+                note(FORM, SEQUENCE | ACTIVE | body << SLOT_SHIFT);
+            } else {
+                pushWaiting(program, history.placeOf(waited));
+            }
+            if (noted(PURPOSE) == SETTING) {
+                note(DEPTH, depthOf(history.environmentOf(act), noted(TARGET)));
+            }
+            if (noted(WALKED) == 1) {
+                settings.beginWalk(keyOfWalk(noted(LOOKED), noted(SCANNED)));
+                note(WALKED, 2);
+            }
+            note(STAGE, AT_SCAN);
+        }
+
+        /** Lets the forms wait that are around a place. */
+        private void pushWaiting(int program, int place) {
+            int content = store.word(program, place) >>> SLOT_SHIFT;
+            for (int i = 0; i < MAX_LEVEL && content != 0; i++) {
+                int around = store.word(program, content - 2);
+                int index = store.word(program, content - 1) & INDEX_MASK;
+                content = around >>> SLOT_SHIFT;
+                int tag = around & TAG_MASK;
+                boolean isLast = tag == SEQUENCE && store.word(program, content + index + 1) == 0;
+                if (around != 0 && !isLast && (tag != BRANCH || index == 0)) {
+                    push(around, content + index);
                 }
-                int further = cellKind == ALL_SET ? heap.noteOf(version) : 0;
-                boolean isFar = further != 0 && heap.at(further, STAMP) >= time;
-                int before = heap.at(version, isLater ? NEXT : ITEM);
-                member = cellKind == GROUPED ? version : member;
-                boolean isInGroup = cellKind == GROUP_SETTINGS || !isLater;
-                version = isFar ? further : isInGroup ? settingsOrBefore(before, member) : before;
             }
-            memos.put(memo, environment + 1);
-            memos.put(memo + 1, time);
-            memos.put(memo + VERSION_FOUND, version);
-            memos.put(memo + MEMBER_FOUND, member);
-            return memo;
+            int first = noted(BOTTOM);
+            int last = levelsUsed - 2;
+            for (; first < last; first += 2) {
+                swap(first, last);
+                swap(first + 1, last + 1);
+                last -= 2;
+            }
+        }
+
+        private void push(int slot, int cursor) {
+            put(levels, levelsUsed, slot);
+            put(levels, levelsUsed + 1, cursor);
+            levelsUsed += 2;
+        }
+
+        private void swap(int one, int other) {
+            int number = at(levels, one);
+            put(levels, one, at(levels, other));
+            put(levels, other, number);
+        }
+
+        /** Goes on with looking through a segment, up to a test that is not known, or the end. */
+        private long scan() {
+            int waited = noted(WAITED);
+            int act = waited != 0 ? history.actOf(waited, History.END) : noted(LOOKED);
+            int program = history.programOf(act);
+            boolean isLimited = noted(PURPOSE) == SETTING && noted(LIMIT_WAITED) == (noted(SCANNED) == History.PASSED ? waited : 0);
+            int limit = isLimited ? noted(LIMIT) : 0;
+            if (!isLoaded(program)) {
+                return 0;
+            }
+            boolean isOn = true;
+            for (int i = 0; i < MAX_STEPS && isOn; i++) {
+                int form = noted(FORM);
+                if (form != 0) {
+                    int slot = store.word(program, noted(FORM_PLACE));
+                    slot = noted(FORM_PLACE) == 0 ? form : slot;
+                    isOn = limit == 0 || noted(FORM_PLACE) != limit || (slot & TAG_MASK) == OTHER;
+                    note(FORM, 0);
+                    if (isOn) {
+                        scanInto(program, slot);
+                    }
+                } else if (levelsUsed <= noted(BOTTOM)) {
+                    return endSegment(act);
+                } else if ((at(levels, levelsUsed - 2) & TAG_MASK) == BRANCH) {
+                    int holds = history.testOf(noted(LOOKED), noted(SCANNED), noted(TESTS_SEEN));
+                    if (holds < 0) {
+                        note(WAY, 0);
+                        note(STAGE, AT_SCAN_CHOICE);
+                        int segment = noted(SCANNED) == History.PASSED ? waited + 1 : noted(SCANNED);
+                        beginTest(noted(LOOKED), segment, at(levels, levelsUsed - 2) >>> SLOT_SHIFT);
+                        return 0;
+                    }
+                    note(TESTS_SEEN, noted(TESTS_SEEN) + 1);
+                    if (isChosen(holds)) {
+                        return 0;
+                    }
+                } else {
+                    isOn = scanBehind(program, act, limit);
+                }
+            }
+            return endScan();
+        }
+
+        /** Goes on with the part that a test chose; whether that is all that is looked for. */
+        private boolean isChosen(int holds) {
+            int content = at(levels, levelsUsed - 2) >>> SLOT_SHIFT;
+            int chosen = content + 2 - holds;
+            boolean isOfIt = noted(SCANNED) != History.PASSED || noted(LIMIT_WAITED) == noted(WAITED);
+            if (noted(PURPOSE) == CHOICE && isOfIt && content == noted(LIMIT)) {
+                knowWay(chosen);
+                levelsUsed = noted(BOTTOM);
+                note(PLACE, chosen);
+                note(STAGE, AT_PART);
+                return true;
+            }
+            levelsUsed -= 2;
+            note(FORM, -1);
+            note(FORM_PLACE, chosen);
+            return false;
+        }
+
+        private void scanInto(int program, int slot) {
+            if (levelsUsed <= noted(BOTTOM)) {
+                note(LAST_FORM, noted(FORM_PLACE));
+            }
+            if ((slot & ACTIVE) == 0) {
+                return;
+            }
+            boolean isSetting = (slot & TAG_MASK) == OTHER;
+            int content = slot >>> SLOT_SHIFT;
+            int first = isSetting ? content + 2 : content;
+            boolean isOne = (slot & TAG_MASK) == SEQUENCE && store.word(program, first + 1) == 0;
+            if (!isOne) {
+                push(slot, content);
+            }
+            note(FORM, -1);
+            note(FORM_PLACE, first);
+        }
+
+        /** Goes on behind a part of a call, a sequence or a setting; whether that was not the last one of the segment. */
+        private boolean scanBehind(int program, int act, int limit) {
+            int slot = at(levels, levelsUsed - 2);
+            int place = at(levels, levelsUsed - 1) + 1;
+            if ((slot & TAG_MASK) == OTHER) {
+                return isBehindSetting(program, act, place - 1, limit);
+            }
+            boolean isCall = (slot & TAG_MASK) == CALL;
+            int next = store.word(program, place);
+            for (int i = 0; i < MAX_SIZE && isCall && next != 0 && (next & ACTIVE) == 0 && place != limit; i++) {
+                place++;
+                next = store.word(program, place);
+            }
+            put(levels, levelsUsed - 1, place);
+            if (!isCall && store.word(program, place + 1) == 0) {
+                levelsUsed -= 2;
+            }
+            note(FORM, next == 0 ? 0 : -1);
+            note(FORM_PLACE, place);
+            return next != 0;
+        }
+
+        /** Goes on behind a setting, which is noted if it is one of the variable; whether it was not stopped there. */
+        private boolean isBehindSetting(int program, int act, int node, int limit) {
+            int around = store.word(program, node - 2);
+            int index = store.word(program, node - 1) & INDEX_MASK;
+            int place = (around >>> SLOT_SHIFT) + ((around & TAG_MASK) == OTHER ? 2 : index);
+            if (limit != 0 && place == limit) {
+                return false;
+            }
+            int set = store.word(program, node + 1);
+            boolean isLocal = store.word(program, node) == SET_LOCAL;
+            int out = isLocal ? set >>> DEPTH_OUT_SHIFT : GLOBAL_DEPTH;
+            int variable = isLocal ? set >> SLOT_SHIFT & VARIABLE_MASK : set;
+            if (noted(PURPOSE) == SETTING && out == noted(DEPTH) && variable == noted(TARGET_PLACE)) {
+                note(LAST, node + 2);
+                note(LAST_WAITED, noted(WAITED));
+            }
+            if (noted(WALKED) != 0) {
+                int environment = isLocal ? history.environmentOf(act) : 0;
+                for (int i = 0; i < out && isLocal; i++) {
+                    environment = history.around(environment);
+                }
+                long where = node + 2 | (long) noted(WAITED) << OFFSET_BITS;
+                settings.noteWalked(keyOfWalk(noted(LOOKED), noted(SCANNED)), environment, variable, where);
+            }
+            levelsUsed -= 2;
+            return true;
+        }
+
+        /** Goes on behind the end of a body, to the one that went on with its value. */
+        private long endSegment(int act) {
+            if (noted(SCANNED) != History.PASSED) {
+                return endScan();
+            }
+            long given = 0;
+            int frame = history.behind(act);
+            for (int i = 0; i < MAX_STEPS && frame >= History.SPECIAL; i++) {
+                long word = history.word(frame - History.SPECIAL);
+                int sort = (int) word & FRAME_MASK;
+                given = sort == AFTER_FRAME ? history.word(frame - History.SPECIAL + 1) : given;
+                frame = (int) (word >>> FRAME_BITS) & LINK_MASK;
+                if (sort == JUMP_FRAME || sort == ENTER_FRAME) {
+                    // A jump that was applied to nothing else has arrived.
+                    int goal = (int) (word >>> FRAME_BITS + LINK_BITS) & LINK_MASK;
+                    given = history.word(goal + 1);
+                    frame = (int) history.word((int) history.word(goal)) & LINK_MASK;
+                }
+            }
+            if (noted(PURPOSE) == GIFT && frame == noted(LIMIT_WAITED)) {
+                if (given == 0 && noted(LAST_FORM) != 0) {
+                    follow(noted(LOOKED), noted(WAITED) + 1, noted(LAST_FORM));
+                    return 0;
+                }
+                return given == 0 ? NOTHING : given;
+            }
+            boolean isLast = noted(WAITED) == noted(LIMIT_WAITED) && noted(LIMIT) != 0;
+            if (frame == 0 || isLast || frame == history.waitedOf(noted(LOOKED), History.END)) {
+                return endScan();
+            }
+            note(WAITED, frame);
+            note(LAST_FORM, 0);
+            note(STAGE, AT_SEGMENT);
+            return 0;
+        }
+
+        /** Ends with looking through segments; what was found is followed. */
+        private long endScan() {
+            levelsUsed = noted(BOTTOM);
+            if (noted(PURPOSE) != SETTING) {
+                return NOTHING;
+            }
+            int scanned = noted(SCANNED);
+            int last = noted(LAST);
+            knowWay(last == 0 ? NONE : last);
+            if (noted(WALKED) != 0) {
+                settings.endWalk(keyOfWalk(noted(LOOKED), scanned));
+                note(WALKED, 0);
+            }
+            if (last == 0) {
+                note(LIMIT, 0);
+                note(LIMIT_WAITED, 0);
+                note(STAGE, AT_SEARCH);
+                return 0;
+            }
+            passed(noted(TARGET), noted(TARGET_PLACE), noted(LOOKED));
+            follow(noted(LOOKED), scanned == History.PASSED ? noted(LAST_WAITED) + 1 : scanned, last);
+            return 0;
+        }
+
+        // ---- what is known for a while
+
+        private static long keyOf(int interval, int segment, int place) {
+            return interval
+                    | (long) (segment + LEAST_SEGMENT) << INTERVAL_BITS
+                    | (long) place << INTERVAL_BITS + SEGMENT_BITS;
+        }
+
+        /** Lets more be known, if much is forgotten. */
+        private void growKnown() {
+            long[] before = known;
+            known = new long[4 * before.length];
+            for (int i = before.length - 2; i >= 0; i -= 2) {
+                if (wordAt(before, i) != 0) {
+                    knowByKey(wordAt(before, i), wordAt(before, i + 1));
+                }
+            }
+            forgotten = 0;
+        }
+
+        /** Lets more be known, if there is more to know. */
+        private void growTables() {
+            if (passes.length < MOST_PASSES && passes.length < history.now) {
+                passes = new long[4 * passes.length];
+            }
+            if (ways.length < MOST_WAYS && ways.length < history.now) {
+                ways = new long[4 * ways.length];
+            }
+        }
+
+        private int rowOfKnown(long key) {
+            int hash = ((int) key * 0x9E3779B1 + (int) (key >>> 32) * 0x7FEB352D) * 0x85EBCA6B;
+            return (hash ^ hash >>> 15) & known.length - 4;
+        }
+
+        private long knownPart(int interval, int segment, int place) {
+            long key = keyOf(interval, history.lastingSegment(interval, segment), place);
+            int row = rowOfKnown(key);
+            if (wordAt(known, row) == key) {
+                return wordAt(known, row + 1);
+            }
+            return wordAt(known, row + 2) == key ? wordAt(known, row + 3) : 0;
+        }
+
+        /** Keeps what was found for a part. */
+        private void know(int interval, int segment, int place, long value) {
+            knowByKey(keyOf(interval, history.lastingSegment(interval, segment), place), value);
+        }
+
+        private void knowByKey(long key, long value) {
+            int row = rowOfKnown(key);
+            if (wordAt(known, row) != key) {
+                forgotten += wordAt(known, row + 2) == 0 ? 0 : 1;
+                putWord(known, row + 2, wordAt(known, row));
+                putWord(known, row + 3, wordAt(known, row + 1));
+                putWord(known, row, key);
+            }
+            putWord(known, row + 1, value);
+        }
+
+        private int rowOfWay(long begin, long tests, int end) {
+            int hash = ((int) begin * 31 + (int) (begin >>> 32)) * 0x9E3779B1 + end * 0x7FEB352D;
+            hash = (hash + (int) tests * 0x2C1B3C6D + (int) (tests >>> 32)) * 0x85EBCA6B;
+            return (hash ^ hash >>> 15) & ways.length - 4;
+        }
+
+        /** What was found on the same way through the END of another interval; NONE if it is not there; 0 if not known. */
+        private int knownWay() {
+            long begin = wordAt(way, 0);
+            long tests = wordAt(way, 1);
+            int end = noted(PURPOSE) == CHOICE ? CHOICE << SLOTS_SHIFT : noted(TARGET_PLACE);
+            int row = rowOfWay(begin, tests, end);
+            boolean isKnown = tests != 0
+                    && wordAt(ways, row) == begin
+                    && wordAt(ways, row + 1) == tests
+                    && ((int) wordAt(ways, row + 2) & (1 << SLOTS_SHIFT + 2) - 1) == end;
+            return isKnown ? (int) (wordAt(ways, row + 2) >> SLOTS_SHIFT + 2) : 0;
+        }
+
+        private void knowWay(int found) {
+            if (noted(SCANNED) == History.END && noted(WAY) == 1) {
+                long begin = wordAt(way, 0);
+                long tests = wordAt(way, 1);
+                int end = noted(PURPOSE) == CHOICE ? CHOICE << SLOTS_SHIFT : noted(TARGET_PLACE);
+                int row = rowOfWay(begin, tests, end);
+                putWord(ways, row, begin);
+                putWord(ways, row + 1, tests);
+                putWord(ways, row + 2, end | (long) found << SLOTS_SHIFT + 2);
+            }
         }
     }
 
     /**
      * The body of a procedure, or the program, that is evaluated at hand: the forms in it that wait for a part, and the
-     * values of the parts of calls up to now. What is the last thing in the body waits for nothing.
-     *
-     * <p>When a part of an episode is wanted, its form is looked at again. A variable leads to another part of an earlier
-     * episode, and so on, in one task; only for a test there is a task within another one. So it takes little room.
+     * values of the parts of calls up to now, as far as they are known. What is the last thing in the body waits for nothing.
      */
     private static final class Body {
         // What is next: to evaluate the form, to take the value, to apply a procedure; anything above is an error's letter.
         static final int EVALUATE = 0;
         static final int TAKE = 1;
         static final int APPLY = 2;
-        // What a task knows: the part of an episode that is looked at, how far it is; the variable that is looked for, the
-        // version at hand and its group; the episode whose settings are looked through, up to a place, the form at hand in it,
-        // how many tests were ahead, what was found; what the task is for; where its levels and marks begin; how many parts
-        // led to this one; what a test came to.
-        private static final int EPISODE = 0;
-        private static final int PLACE = 1;
-        private static final int STAGE = 2;
-        private static final int TARGET = 3;
-        private static final int TARGET_PLACE = 4;
-        private static final int VERSION = 5;
-        private static final int MEMBER = 6;
-        private static final int SCANNED = 7;
-        private static final int SCAN_LIMIT = 8;
-        private static final int SCAN_FORM = 9;
-        private static final int SCAN_PLACE = 10;
-        private static final int TESTS_SEEN = 11;
-        private static final int LAST = 12;
-        private static final int KEY = 13;
-        private static final int KEY_PLACE = 14;
-        private static final int BOTTOM = 15;
-        private static final int FIRST_MARK = 16;
-        private static final int LINKS = 17;
-        private static final int RESULT = 18;
-        private static final int TASK = 19;
-        // Its stages.
-        private static final int PART = 0;
-        private static final int CHOICE = 1;
-        private static final int SEARCH = 2;
-        private static final int SCAN = 3;
-        private static final int SCAN_CHOICE = 4;
-        private static final int SAVED = 4;
-        private static final int MOST_TASKS = 1000;
-        private static final int MAX_MARKS = 65536;
-        private static final int MOST_CELLS = 2; // that a few values may take
-        private static final int LEAST_PARTS = 64; // that lead from one to the next, until arguments are held
-        private static final int MAX_PENDING = 65536;
+        private static final int MOST_VALUES = 8192;
+        private static final int STEPS = 100000;
 
-        private final Heap heap;
         private final Store store;
-        private final Values values;
-        private final Variables variables;
-        private int program; // that is evaluated
-        // For each form that waits: its slot, the place in the image of that of the part at hand, at what height its values
-        // begin.
-        private final Row nodes;
-        private final Row cursors;
-        private final Row heights;
+        private final History history;
+        private final Settings settings;
+        private final Finder finder;
+        int program; // that is evaluated
+        // For each form that waits: its slot, its place, the place of the part at hand, at what height its values begin.
+        private final int[] nodes;
+        private final int[] places;
+        private final int[] cursors;
+        private final int[] heights;
         private int level;
-        private final Row stack; // used as far as there are values
-        int below; // how many values wait below them
+        private final long[] stack; // a value is 0 if it is not known
+        private int used;
+        private int below; // how many values wait below them
         int start; // at what height the procedure to be applied is, with its arguments above
         int mode;
-        int value;
+        long value; // 0 if it is not known
         int environment;
         private int form;
-        private final Row tasks; // behind what the heap must see of the body
-        private final Row levels; // of tasks: slot and cursor of each form that waits
-        private final Row marks; // parts on the way to one, which come to the same
-        private final Row pending; // what is still to be looked for behind what the tasks are for
+        private int formPlace;
+        int behind; // what waits behind the body
 
-        Body(Heap heap, Store store, Values values, Variables variables) {
-            this.heap = heap;
+        Body(Store store, History history, Settings settings, Finder finder) {
             this.store = store;
-            this.values = values;
-            this.variables = variables;
-            nodes = new Row(MAX_LEVEL, 2 * MAX_LEVEL);
-            cursors = new Row(MAX_LEVEL, 2 * MAX_LEVEL);
-            heights = new Row(MAX_LEVEL, 2 * MAX_LEVEL);
-            stack = values.stack;
-            tasks = heap.newRoots(SAVED, SAVED + TASK * (MOST_TASKS + 2));
-            levels = new Row(0, 2 * MAX_LEVEL * (MOST_TASKS + 2));
-            marks = heap.newRoots(0, MAX_MARKS);
-            pending = heap.newRoots(0, MAX_PENDING);
+            this.history = history;
+            this.settings = settings;
+            this.finder = finder;
+            nodes = new int[LEVELS];
+            places = new int[LEVELS];
+            cursors = new int[LEVELS];
+            heights = new int[LEVELS];
+            stack = new long[MOST_VALUES];
             reset();
         }
 
         private void reset() {
             program = 0;
+            environment = 0;
             level = -1;
-            stack.used = 0;
+            used = 0;
             below = 0;
             start = 0;
-            values.forgetBody();
+            form = 0;
+            formPlace = 0;
+            put(nodes, 0, 0);
+            put(places, 0, 0);
         }
 
-        /** Begins to evaluate a form of a program by itself. */
-        void startWith(int newProgram, int slot, int around) {
+        /** Begins to evaluate the body of a lambda. */
+        void startWith(int newProgram, int offset, int around) {
             reset();
             program = newProgram;
             environment = around;
-            form = slot;
+            form = SEQUENCE | ACTIVE | offset + BODY_PLACE << SLOT_SHIFT;
             mode = EVALUATE;
-            values.beginBody(program, slot);
         }
 
-        /** Ends with a value, or 0. */
-        void end(int last) {
+        /** Ends with a value. */
+        void end(long last) {
             reset();
-            environment = 0;
-            form = 0;
             value = last;
             mode = TAKE;
         }
@@ -4142,33 +4726,32 @@ public final class WindwardScheme {
             return level < 0;
         }
 
-        /** Lets the heap see what is in use. */
-        void save() {
-            tasks.put(0, value);
-            tasks.put(1, environment);
-            tasks.put(2, Math.max(0, values.wanted));
+        /** Whether something in the body is next. */
+        boolean isAtWork() {
+            return mode == EVALUATE || mode == TAKE && level >= 0;
         }
 
         /** Lets a value be what the form at hand came to. */
-        void give(int answer) {
+        private void give(long answer) {
             value = answer;
             mode = TAKE;
         }
 
-        /** Lets a value be what the call came to that was to be applied: an episode begins with it. */
-        void giveForCall(int answer) {
+        /** Lets a value be what the call came to that was to be applied. */
+        void giveForCall(long answer) {
+            int frame = history.now;
             cutTo(start);
             give(answer);
             if (level >= 0) {
-                values.beginEpisode(start, pathHere(), answer);
+                history.openWith(frame, answer);
+                finder.forget();
             }
         }
 
         /** Lets a procedure be applied without arguments, as long as none are pushed. */
-        void applyLater(int procedure) {
+        void applyLater(long procedure) {
             reset();
-            environment = 0;
-            stack.add(procedure);
+            push(procedure);
             mode = APPLY;
         }
 
@@ -4176,141 +4759,180 @@ public final class WindwardScheme {
             return height() - start - 1;
         }
 
-        void push(int argument) {
-            stack.add(argument);
+        void push(long argument) {
+            putWord(stack, used, argument);
+            used++;
         }
 
         // ---- evaluation
 
-        /** Whether the image of the program is there, if it is looked at next; otherwise it is wanted. */
-        boolean hasImage() {
-            boolean isLookedAt = mode == EVALUATE ? (form & TAG_MASK) <= OTHER : mode == TAKE && level >= 0;
-            boolean isThere = !isLookedAt || store.isLoaded(program);
-            values.wanted = isThere ? values.wanted : -program;
-            return isThere;
+        /** Goes on until a procedure is to be applied, the body ends, or something must be found first. */
+        void work() {
+            for (int i = 0; i < STEPS && isAtWork() && !finder.isBusy(); i++) {
+                if (mode == EVALUATE) {
+                    evaluate();
+                } else {
+                    take();
+                }
+            }
         }
 
-        /** Evaluates the form at hand; if something is wanted for it, nothing is done. */
-        void evaluate() {
+        /** Evaluates the form at hand; if something is to be found for it first, nothing is done. */
+        private void evaluate() {
             int content = form >>> SLOT_SHIFT;
-            int found;
             switch (form & TAG_MASK) {
                 case CALL:
                 case BRANCH:
-                    open(form, store.word(program, content));
-                    return;
+                    open(content);
+                    break;
                 case SEQUENCE:
-                    int next = store.word(program, content);
                     if (store.word(program, content + 1) == 0) {
-                        form = next;
+                        form = store.word(program, content);
+                        formPlace = content;
                     } else {
-                        open(form, next);
+                        open(content);
                     }
-                    return;
+                    break;
                 case LOCAL:
-                    if (isDropped()) {
-                        found = NOTHING_CELL;
-                        break;
-                    }
-                    int around = variables.around(environment, form);
-                    int place = Variables.placeOf(form);
-                    found = variables.justSet(around, place);
-                    found = found == Values.NONE ? variables.valueOf(around, place) : found;
+                    evaluateLocal();
                     break;
                 case GLOBAL:
-                    found = store.globalValue(content);
+                    give(store.globalValue(content));
+                    mode = value == 0 ? 'u' : TAKE;
                     break;
                 case OTHER:
                     evaluateOther(content);
-                    return;
+                    break;
+                case CONSTANT:
+                    give(store.valueOf(content));
+                    break;
                 default:
-                    found = content;
-            }
-            if (found != 0) {
-                give(found);
-            } else if (values.wanted == 0) {
-                mode = 'u';
+                    give(store.plainValue(program, content));
             }
         }
 
-        /** Whether the value of the form at hand is dropped, as it is a part of a sequence, and not the last one. */
+        private void evaluateLocal() {
+            int around = environmentAt(form);
+            int place = form >> SLOT_SHIFT & VARIABLE_MASK;
+            if (isDropped()) {
+                give(NOTHING);
+                return;
+            }
+            long found = settings.known(around, place);
+            if (found == 0 && !canBeUnknown()) {
+                found = finder.partOf(history.now, History.END, formPlace);
+                if (found == 0) {
+                    return;
+                }
+                settings.remember(around, place, found);
+            }
+            give(found);
+        }
+
+        private int environmentAt(int slot) {
+            int around = environment;
+            for (int i = slot >>> DEPTH_OUT_SHIFT; i > 0; i--) {
+                around = history.around(around);
+            }
+            return around;
+        }
+
+        /** Whether nothing looks at the value of the form at hand. */
         private boolean isDropped() {
-            return level >= 0 && (nodes.get(level) & TAG_MASK) == SEQUENCE;
+            return level < 0 ? history.drops(behind) : (at(nodes, level) & TAG_MASK) == SEQUENCE;
+        }
+
+        /** Whether the value of the form at hand can be found later, if something looks at it. */
+        private boolean canBeUnknown() {
+            int node = at(nodes, level);
+            boolean isSetLocal = (node & TAG_MASK) == OTHER && store.word(program, node >>> SLOT_SHIFT) == SET_LOCAL;
+            return level >= 0 && ((node & TAG_MASK) == CALL || isSetLocal);
         }
 
         private void evaluateOther(int node) {
-            int info = store.word(program, node + 1);
             switch (store.word(program, node)) {
                 case LAMBDA:
-                    int address = program << OFFSET_BITS | node;
-                    boolean isMade = !isDropped();
-                    give(isMade ? heap.make(CLOSURE, info, address, environment, values.lastStamp()) : NOTHING_CELL);
-                    break;
-                case QUOTE:
-                    give(heap.make(QUOTED, 0, program << OFFSET_BITS | info, 0, 0));
+                    give(isDropped() ? NOTHING : Finder.closure(node, history.actNow(), history.now));
                     break;
                 case SYNTAX:
-                    store.define(info, MACRO, store.newRules());
-                    variables.set(0, info, 0);
-                    give(NOTHING_CELL);
+                    store.define(store.word(program, node + 1), MACRO, 0);
+                    give(NOTHING);
                     break;
                 default:
-                    open(form, store.word(program, node + 2));
+                    open(node);
             }
         }
 
         private int height() {
-            return below + stack.used;
+            return below + used;
         }
 
         /** Lets nothing be above a height. */
         private void cutTo(int height) {
-            stack.used = Math.max(0, height - below);
+            used = Math.max(0, height - below);
             below = Math.min(below, height);
         }
 
-        /** The value at a height; 0 if it is wanted first. */
-        int valueAt(int height) {
-            return height >= below ? stack.get(height - below) : values.look(values.base(), height, placeAt(height));
+        /** The value at a height; 0 if it is being looked for. */
+        long valueAt(int height) {
+            int index = height - below;
+            long plain = index >= used ? 0 : wordAt(stack, index);
+            if (plain == 0) {
+                plain = finder.partOf(history.now, History.END, placeAt(height));
+            }
+            if (plain != 0 && index >= 0) {
+                putWord(stack, index, plain);
+            }
+            return plain;
+        }
+
+        /** The value at a height, if it is known; otherwise 0. */
+        long plainAt(int height) {
+            int index = height - below;
+            return index >= used ? 0 : wordAt(stack, index);
         }
 
         /** Where the part of a call is in the code whose value is at a height. */
         private int placeAt(int height) {
-            for (int i = Math.min(level + 1, MAX_LEVEL); i >= 0; i--) {
-                if ((nodes.get(i) & TAG_MASK) == CALL && heights.get(i) <= height) {
-                    return (nodes.get(i) >>> SLOT_SHIFT) + height - heights.get(i);
+            for (int i = Math.min(level + 1, LEVELS - 1); i >= 0; i--) {
+                if ((at(nodes, i) & TAG_MASK) == CALL && at(heights, i) <= height) {
+                    return (at(nodes, i) >>> SLOT_SHIFT) + height - at(heights, i);
                 }
             }
             return 0;
         }
 
-        /** Lets a form wait for its first part. */
-        private void open(int slot, int part) {
+        /** Lets the form at hand wait for its first part. */
+        private void open(int content) {
+            int first = (form & TAG_MASK) == OTHER ? content + 2 : content;
             level++;
-            nodes.put(level, slot);
-            cursors.put(level, slot >>> SLOT_SHIFT);
-            heights.put(level, height());
-            form = part;
+            put(nodes, level, form);
+            put(places, level, formPlace);
+            put(cursors, level, content);
+            put(heights, level, height());
+            form = store.word(program, first);
+            formPlace = first;
         }
 
         /** Takes the value for the form that waits for it. */
-        void take() {
-            int place = cursors.get(level);
-            switch (nodes.get(level) & TAG_MASK) {
+        private void take() {
+            int place = at(cursors, level);
+            switch (at(nodes, level) & TAG_MASK) {
                 case CALL:
-                    stack.add(value);
+                    push(value);
                     if (!isNextBegun(place + 1)) {
-                        start = heights.get(level);
+                        start = at(heights, level);
                         level--;
                         mode = APPLY;
                     }
                     break;
                 case BRANCH:
+                    history.noteTest(value != FALSE);
+                    formPlace = value == FALSE ? place + 2 : place + 1;
+                    form = store.word(program, formPlace);
                     level--;
-                    values.noteTest(value != FALSE_CELL);
-                    form = store.word(program, value == FALSE_CELL ? place + 2 : place + 1);
                     mode = form == 0 ? TAKE : EVALUATE;
-                    value = form == 0 ? NOTHING_CELL : value;
+                    value = NOTHING;
                     break;
                 case SEQUENCE:
                     // What is the last part of it takes its place.
@@ -4325,592 +4947,108 @@ public final class WindwardScheme {
         private boolean isNextBegun(int place) {
             int next = store.word(program, place);
             if (next != 0) {
-                cursors.put(level, place);
+                put(cursors, level, place);
                 form = next;
+                formPlace = place;
                 mode = EVALUATE;
             }
             return next != 0;
         }
 
-        private void assign(int kind, int target) {
-            if (kind == SET_GLOBAL && store.globalValue(target) == 0) {
+        private void assign(int kindOfNode, int target) {
+            if (kindOfNode == SET_GLOBAL && store.globalValue(target) == 0) {
+                formPlace = at(places, level);
                 mode = 'u';
                 return;
             }
-            if (kind == SET_LOCAL) {
-                variables.set(variables.around(environment, target), Variables.placeOf(target), value);
+            if (kindOfNode == SET_LOCAL) {
+                settings.set(environmentAt(target), target >> SLOT_SHIFT & VARIABLE_MASK, value);
             } else {
                 store.define(target, VARIABLE, value);
-                variables.set(0, target, value);
+                settings.set(0, target, value);
             }
+            history.noteSetting();
             level--;
-            value = NOTHING_CELL;
+            value = NOTHING;
         }
 
-        // ---- frames
+        // ---- what waits
 
-        /** Where the parts of the call are in the code that is to be applied. */
+        /** The place of the call that is to be applied; 0 if it is none in code. */
         int placeOfCall() {
-            return nodes.get(level + 1) >>> SLOT_SHIFT;
+            return at(places, level + 1);
         }
 
-        /**
-         * The row of the arguments of the call that is to be applied, or just the episode in which they came about; those for
-         * the rest are behind the others.
-         */
-        int rowOfArguments(int parameters, int count, boolean hasRest) {
-            int first = start + 1 - below;
-            int extra = count - parameters;
-            values.built = 0;
-            if (parameters == 0 && !hasRest) {
-                return 0;
-            }
-            // What is not applied by code has few arguments, and no episode in which they came about.
-            int most = values.isLastMade() || isEpisodeKept() ? 0 : MOST_CELLS;
-            boolean isPlain = values.countOfEpisodes() == 0
-                    || first >= 0 && (values.areFew(first, count, most) || isHeld(count));
-            if (isPlain && hasRest && extra <= 1) {
-                int rest = extra == 0 ? EMPTY_CELL : values.pairOf(stack.get(first + parameters), EMPTY_CELL);
-                stack.put(first + parameters, rest);
-                return values.plain(stack, first, parameters + 1);
-            }
-            int row;
-            if (isPlain) {
-                row = values.plain(stack, first, count);
-            } else if (values.beginOfLast() <= start + 1) {
-                row = values.lastEpisode(environment);
-            } else {
-                values.built = values.rowUpTo(start + 1 + count, below, environment);
-                row = values.built;
-            }
-            if (!hasRest && (isPlain || values.isEpisode(row))) {
-                return row;
-            }
-            int note = count << COUNT_BITS + 1 | (hasRest ? HAS_REST : 0) | parameters;
-            return heap.make(ARGUMENTS, note, row, isPlain ? 0 : placeOfCall(), start);
+        /** The place of the form at hand. */
+        int placeOfForm() {
+            return formPlace;
         }
 
-        /** Whether the episode at hand will be made for what waits, or for many arguments. */
-        boolean isEpisodeKept() {
-            return level >= 0 && start - values.beginOfLast() > MOST_CELLS + 1
-                    || values.countOfEpisodes() > 0 && countOfArguments() > MOST_CELLS + 1;
+        /** Whether the value of the call that is to be applied will be dropped. */
+        boolean dropsValue() {
+            return level >= 0 && (at(nodes, level) & TAG_MASK) == SEQUENCE;
         }
 
-        /** Whether so many arguments are held as they are: some are, now and then, so that no chain of parts is too long. */
-        private boolean isHeld(int count) {
-            return (values.lastStamp() * 0x9E3779B1 >>> 1) % (LEAST_PARTS + count / 2) == 0;
+        /** Leaves the body for an application; what is still to be done in it waits. */
+        void leave() {
+            behind = level < 0 ? behind : history.now;
         }
 
-        /** Leaves the body for an application: the frames ahead of which is what is still to be done in it. */
-        int leave(int frames) {
-            if (level < 0) {
-                return frames;
-            }
-            int row = values.built;
-            if (row == 0 && start > 0) {
-                row = values.rowUpTo(start, below, environment);
-            }
-            cutTo(start);
-            int frame = heap.make(BODY_FRAME, pathHere(), row, frames, environment);
+        /** Goes on with the body that waits for a value in the END of an interval. */
+        void resume(int frame, long given) {
+            history.resume(frame, given);
+            finder.forget();
+            int act = history.actNow();
             reset();
-            return frame;
+            program = history.programOf(act);
+            environment = history.environmentOf(act);
+            behind = history.behind(act);
+            goTo(history.placeOf(frame));
+            give(given);
         }
 
-        private int pathHere() {
-            int slot = nodes.get(level);
-            return heap.makeShared(PATH, program, slot, cursors.get(level) - (slot >>> SLOT_SHIFT), height());
-        }
-
-        /** Whether the image is there in which a path lies; otherwise it is wanted. */
-        boolean canGoTo(int path) {
-            boolean isThere = path == 0 || store.isLoaded(heap.noteOf(path));
-            values.wanted = isThere ? values.wanted : -heap.noteOf(path);
-            return isThere;
-        }
-
-        /** Goes on with the body of a frame, where the value at hand is waited for. */
-        void resume(int frame) {
-            int path = heap.noteOf(frame);
-            reset();
-            environment = heap.at(frame, EXTRA);
-            goTo(path);
-            values.resumeBody(heap.at(frame, ITEM), below, path, value);
-        }
-
-        /** Lets the forms of a path wait, the innermost one for the value at hand. */
-        private void goTo(int path) {
-            program = heap.noteOf(path);
-            below = heap.at(path, EXTRA);
-            int slot = heap.at(path, ITEM);
-            int index = heap.at(path, NEXT);
-            int height = below;
-            for (int i = 0; i < MAX_LEVEL && slot != 0; i++) {
-                int place = slot >>> SLOT_SHIFT;
-                if (isWaiting(slot & TAG_MASK, place, index)) {
-                    height -= (slot & TAG_MASK) == CALL ? index : 0;
+        /** Lets the forms wait that are around a call, the innermost one for the value at hand. */
+        private void goTo(int place) {
+            int content = store.word(program, place) >>> SLOT_SHIFT;
+            int around = store.word(program, content - 2);
+            int index = store.word(program, content - 1) & INDEX_MASK;
+            for (int i = 0; i < MAX_LEVEL && around != 0; i++) {
+                content = around >>> SLOT_SHIFT;
+                int tag = around & TAG_MASK;
+                int outer = store.word(program, content - 2);
+                int outerIndex = store.word(program, content - 1) & INDEX_MASK;
+                boolean isLast = tag == SEQUENCE && store.word(program, content + index + 1) == 0;
+                if (!isLast && (tag != BRANCH || index == 0)) {
                     level++;
-                    nodes.put(level, slot);
-                    cursors.put(level, place + index);
-                    heights.put(level, height);
+                    put(nodes, level, around);
+                    put(places, level, (outer >>> SLOT_SHIFT) + ((outer & TAG_MASK) == OTHER ? 2 : outerIndex));
+                    put(cursors, level, content + index);
+                    put(heights, level, tag == CALL ? index : 0);
                 }
-                slot = store.word(program, place - 2);
-                index = store.word(program, place - 1);
+                around = outer;
+                index = outerIndex;
             }
             for (int i = 0; 2 * i < level; i++) {
                 swap(nodes, i, level - i);
+                swap(places, i, level - i);
                 swap(cursors, i, level - i);
                 swap(heights, i, level - i);
             }
-            mode = TAKE;
-        }
-
-        private static void swap(Row row, int one, int other) {
-            int number = row.get(one);
-            row.put(one, row.get(other));
-            row.put(other, number);
-        }
-
-        /** Whether a form waits for one of its parts: the last part of a sequence, and what is chosen, take its place. */
-        private boolean isWaiting(int tag, int place, int index) {
-            switch (tag) {
-                case BRANCH:
-                    return index == 0;
-                case SEQUENCE:
-                    return store.word(this.program, place + index + 1) != 0;
-                default:
-                    return true;
+            for (int i = 0; i <= level; i++) {
+                int waiting = at(heights, i);
+                put(heights, i, below);
+                below += waiting;
             }
         }
 
-        // ---- parts of episodes that are looked at again
-
-        boolean isFinding() {
-            return tasks.used > SAVED;
-        }
-
-        private int at(int which) {
-            return tasks.get(tasks.used - TASK + which);
-        }
-
-        private void note(int which, int number) {
-            tasks.put(tasks.used - TASK + which, number);
-        }
-
-        /**
-         * Looks for what is wanted; it may be that a program is wanted for it, and it is gone on with behind that. Whether
-         * there was room for it.
-         */
-        boolean find(int reserve) {
-            boolean isRight = true;
-            heap.growKnown();
-            if (values.wanted > 0) {
-                beginTask(values.wanted, values.wantedPlace);
-                values.wanted = 0;
-            }
-            for (int i = 0; i < MAX_STEPS && isRight && tasks.used > SAVED && values.wanted == 0; i++) {
-                if (heap.freeCells < STEP) {
-                    save();
-                    isRight = heap.makeRoom(STEP, reserve);
-                }
-                int found = 0;
-                if (isRight) {
-                    switch (at(STAGE)) {
-                        case PART:
-                            found = lookAtPart();
-                            break;
-                        case SEARCH:
-                            found = searchOn();
-                            break;
-                        case SCAN:
-                            found = scanOn();
-                            break;
-                        default:
-                            found = choose();
-                    }
-                }
-                if (found != 0) {
-                    endTask(found);
-                    heap.growKnown();
-                }
-            }
-            save();
-            if (!isRight) {
-                dropTasks();
-            }
-            return isRight;
-        }
-
-        void dropTasks() {
-            tasks.used = SAVED;
-            levels.used = 0;
-            marks.used = 0;
-            pending.used = 0;
-            values.wanted = 0;
-        }
-
-        /** Begins to look for a part of an episode, or for a variable of an environment. */
-        private void beginTask(int key, int place) {
-            if (tasks.used >= SAVED + TASK * MOST_TASKS) {
-                // This one is looked for first, by itself; then that for which it was wanted, from the beginning.
-                pending.add(tasks.get(SAVED + KEY));
-                pending.add(tasks.get(SAVED + KEY_PLACE));
-                tasks.used = SAVED;
-                levels.used = 0;
-                marks.used = 0;
-            }
-            for (int i = 0; i < TASK; i++) {
-                tasks.put(tasks.used + i, 0);
-            }
-            tasks.used += TASK;
-            note(KEY, key);
-            note(KEY_PLACE, place);
-            note(BOTTOM, levels.used);
-            note(FIRST_MARK, marks.used);
-            if (place < 0) {
-                note(VERSION, variables.newestOf(key));
-                note(TARGET, key);
-                note(TARGET_PLACE, ~place);
-                note(STAGE, SEARCH);
-            } else {
-                note(EPISODE, key);
-                note(PLACE, place);
-            }
-        }
-
-        private void endTask(int found) {
-            int key = at(KEY);
-            int place = at(KEY_PLACE);
-            int first = at(FIRST_MARK);
-            for (int i = first; i + 1 < marks.used; i += 2) {
-                heap.know(marks.get(i), marks.get(i + 1), found);
-            }
-            marks.used = first;
-            levels.used = at(BOTTOM);
-            tasks.used -= TASK;
-            if (tasks.used > SAVED) {
-                note(RESULT, found);
-            }
-            heap.know(key, place, found);
-            if (tasks.used == SAVED && pending.used >= 2) {
-                pending.used -= 2;
-                beginTask(pending.get(pending.used), pending.get(pending.used + 1));
-            }
-        }
-
-        /** Lets the task look at another part, which comes to the same. */
-        private void follow(int episode, int place) {
-            note(EPISODE, episode);
-            note(PLACE, place);
-            note(STAGE, PART);
-            int links = at(LINKS) + 1;
-            note(LINKS, links);
-            if ((links & links - 1) == 0) {
-                marks.add(episode);
-                marks.add(place);
-            }
-        }
-
-        /** What the part at hand came to; 0 if it is not known yet. */
-        private int lookAtPart() {
-            int episode = at(EPISODE);
-            int place = at(PLACE);
-            int found = values.simplePart(episode, place);
-            if (found != 0 || values.wanted != 0) {
-                return found;
-            }
-            int slot = store.word(values.programOf(episode), place);
-            int content = slot >>> SLOT_SHIFT;
-            switch (slot & TAG_MASK) {
-                case LOCAL:
-                    beginSearch(variables.around(heap.at(episode, AROUND), slot), Variables.placeOf(slot));
-                    break;
-                case GLOBAL:
-                    beginSearch(0, content);
-                    break;
-                case SEQUENCE:
-                    int last = content;
-                    for (int i = 0; i < MAX_ROW && store.word(values.programOf(episode), last + 1) != 0; i++) {
-                        last++;
-                    }
-                    note(PLACE, last);
-                    break;
-                case BRANCH:
-                    int chosen = values.indexWithin(episode, content);
-                    if (chosen > 0) {
-                        note(PLACE, content + chosen);
-                    } else if (values.testOf(episode, 0) >= 0) {
-                        int known = values.knownOnWay(episode, -1, 0, -content);
-                        note(PLACE, known > 0 ? known : place);
-                        if (known <= 0) {
-                            beginScan(episode, -content);
-                        } else if (store.word(values.programOf(episode), known) == 0) {
-                            return NOTHING_CELL;
-                        }
-                    } else {
-                        beginTest(CHOICE, episode, content);
-                    }
-                    break;
-                default:
-                    return NOTHING_CELL;
-            }
-            return 0;
-        }
-
-        /** Goes on to the stage behind a test, which is looked at by a task of its own if it is not known. */
-        private void beginTest(int stage, int episode, int place) {
-            int found = values.simplePart(episode, place);
-            if (values.wanted != 0) {
-                return;
-            }
-            note(STAGE, stage);
-            note(RESULT, found);
-            if (found == 0) {
-                beginTask(episode, place);
-            }
-        }
-
-        /** Goes on behind a test, by what it came to. */
-        private int choose() {
-            boolean isScan = at(STAGE) == SCAN_CHOICE;
-            int looked = at(isScan ? SCANNED : EPISODE);
-            int looking = values.programOf(looked);
-            if (!store.isLoaded(looking)) {
-                values.wanted = -looking;
-                return 0;
-            }
-            int slot = isScan ? levels.get(levels.used - 2) : store.word(looking, at(PLACE));
-            int place = (slot >>> SLOT_SHIFT) + (at(RESULT) == FALSE_CELL ? 2 : 1);
-            int chosen = store.word(looking, place);
-            note(TESTS_SEEN, at(TESTS_SEEN) + 1);
-            if (isScan) {
-                levels.used -= 2;
-                note(SCAN_FORM, chosen);
-                note(SCAN_PLACE, place);
-                note(STAGE, SCAN);
-                return 0;
-            }
-            note(PLACE, place);
-            note(STAGE, PART);
-            return chosen == 0 ? NOTHING_CELL : 0;
-        }
-
-        /** Begins to look for a variable, as it was in the episode at hand. */
-        private void beginSearch(int target, int place) {
-            int memo = variables.seek(target, heap.at(at(EPISODE), STAMP) + 1);
-            note(TARGET, target);
-            note(TARGET_PLACE, place);
-            note(VERSION, variables.sought(memo, Variables.VERSION_FOUND));
-            note(MEMBER, variables.sought(memo, Variables.MEMBER_FOUND));
-            note(SCANNED, 0);
-            note(STAGE, SEARCH);
-        }
-
-        /** What the variable was that is looked for; 0 if it is not known yet. */
-        private int searchOn() {
-            int episode = at(EPISODE);
-            int target = at(TARGET);
-            int place = at(TARGET_PLACE);
-            for (int i = 0; i < MAX_STEPS && variables.isInChain(at(VERSION)); i++) {
-                int version = at(VERSION);
-                int cellKind = heap.kindOf(version);
-                boolean isOwn = episode != 0 && cellKind != GROUPED && heap.at(version, STAMP) == heap.at(episode, STAMP);
-                boolean isSeen = (!isOwn || at(SCANNED) != episode) && variables.mayBeSet(version, target, place);
-                if (isSeen && !isOwn && (cellKind == SETTING || cellKind == ALL_SET)) {
-                    int row = heap.at(version, ITEM);
-                    int then = cellKind == SETTING ? row : values.plainAt(row, place);
-                    return then == 0 ? NOTHING_CELL : then;
-                }
-                int looked = !isSeen ? 0 : isOwn ? episode : heap.at(version, ITEM);
-                int limit = isOwn ? at(PLACE) : 0;
-                int set = isSeen ? values.knownOnWay(looked, target, place, limit) : Values.NONE;
-                if (set == 0) {
-                    beginScan(looked, limit);
-                    return 0;
-                }
-                if (set > 0) {
-                    follow(looked, set);
-                    return 0;
-                }
-                note(SCANNED, isOwn && isSeen ? episode : at(SCANNED));
-                goBack();
-            }
-            int found = at(VERSION) == 0 ? NOTHING_CELL : values.variable(target, at(VERSION), place, false);
-            if (values.wanted > 0) {
-                follow(values.wanted, values.wantedPlace);
-                values.wanted = 0;
-            }
-            return found;
-        }
-
-        /** Goes back to the version before. */
-        private void goBack() {
-            int version = at(VERSION);
-            if (heap.kindOf(version) == GROUPED) {
-                note(MEMBER, version);
-            }
-            note(VERSION, variables.before(version, at(MEMBER)));
-        }
-
-        /** Begins to look through an episode, up to a place or its end, for what it set the variable to at last. */
-        private void beginScan(int episode, int limit) {
-            note(SCANNED, episode);
-            note(SCAN_LIMIT, limit);
-            note(SCAN_FORM, heap.kindOf(episode) == BEGUN ? heap.at(episode, ITEM) : 0);
-            note(SCAN_PLACE, 0);
-            note(LAST, 0);
-            note(TESTS_SEEN, 0);
-            note(STAGE, SCAN);
-            levels.used = at(BOTTOM);
-            int looking = values.programOf(episode);
-            int path = heap.kindOf(episode) == RESUMED ? heap.noteOf(episode) : 0;
-            if (!store.isLoaded(looking)) {
-                values.wanted = -looking;
-                note(SCANNED, 0);
-                note(STAGE, SEARCH);
-                return;
-            }
-            int slot = heap.at(path, ITEM);
-            int index = heap.at(path, NEXT);
-            for (int i = 0; i < MAX_LEVEL && slot != 0; i++) {
-                int place = slot >>> SLOT_SHIFT;
-                int tag = slot & TAG_MASK;
-                boolean isLast = tag == SEQUENCE && store.word(looking, place + index + 1) == 0;
-                if (!isLast && (tag != BRANCH || index == 0)) {
-                    levels.add(slot);
-                    levels.add(place + index);
-                }
-                slot = store.word(looking, place - 2);
-                index = store.word(looking, place - 1);
-            }
-            int first = at(BOTTOM);
-            for (int i = 0; 4 * i < levels.used - first - 2; i++) {
-                swap(levels, first + 2 * i, levels.used - 2 - 2 * i);
-                swap(levels, first + 2 * i + 1, levels.used - 1 - 2 * i);
-            }
-        }
-
-        /** Goes on with looking through an episode, up to a test that is not known, or the end. */
-        private int scanOn() {
-            int looked = at(SCANNED);
-            int looking = values.programOf(looked);
-            if (!store.isLoaded(looking)) {
-                values.wanted = -looking;
-                return 0;
-            }
-            boolean isOn = true;
-            for (int i = 0; i < MAX_STEPS && isOn; i++) {
-                int slot = at(SCAN_FORM);
-                if (slot != 0) {
-                    isOn = !isWithin(looking, slot, at(SCAN_PLACE), at(SCAN_LIMIT));
-                    note(SCAN_FORM, 0);
-                    if (isOn && (slot & ACTIVE) != 0) {
-                        scanInto(looking, slot);
-                    }
-                } else if (levels.used <= at(BOTTOM)) {
-                    isOn = false;
-                } else if ((levels.get(levels.used - 2) & TAG_MASK) == BRANCH) {
-                    int test = levels.get(levels.used - 2) >>> SLOT_SHIFT;
-                    int holds = values.testOf(looked, at(TESTS_SEEN));
-                    if (holds < 0) {
-                        beginTest(SCAN_CHOICE, looked, test);
-                        return 0;
-                    }
-                    note(TESTS_SEEN, at(TESTS_SEEN) + 1);
-                    int chosen = test + 2 - holds;
-                    if (at(SCAN_LIMIT) == -test) {
-                        values.knowOnWay(looked, -1, 0, -test, chosen);
-                        levels.used = at(BOTTOM);
-                        note(PLACE, chosen);
-                        note(STAGE, PART);
-                        return store.word(looking, chosen) == 0 ? NOTHING_CELL : 0;
-                    }
-                    levels.used -= 2;
-                    note(SCAN_FORM, store.word(looking, chosen));
-                    note(SCAN_PLACE, chosen);
-                } else {
-                    isOn = scanBehind(looked, looking);
-                }
-            }
-            levels.used = at(BOTTOM);
-            note(STAGE, SEARCH);
-            if (at(SCAN_LIMIT) < 0) {
-                return NOTHING_CELL;
-            }
-            int set = at(LAST) == 0 ? Values.NONE : at(LAST);
-            values.knowOnWay(looked, at(TARGET), at(TARGET_PLACE), at(SCAN_LIMIT), set);
-            if (at(LAST) != 0) {
-                follow(looked, at(LAST));
-            } else if (looked != at(EPISODE)) {
-                goBack();
-            }
-            return 0;
-        }
-
-        /**
-         * Whether a place is that of a form, or in it, if it is a sequence that is not looked into. What is in a form is ahead
-         * of its parts in the image, and behind what is in the forms ahead of it, which have been looked through.
-         */
-        private boolean isWithin(int looking, int slot, int formPlace, int place) {
-            int content = slot >>> SLOT_SHIFT;
-            int tag = slot & TAG_MASK;
-            if (place <= 0 || formPlace == place || (slot & ACTIVE) != 0 || tag != SEQUENCE) {
-                return place > 0 && formPlace == place;
-            }
-            int part = content;
-            for (int i = 0; i < MAX_ROW && part < place && store.word(looking, part) != 0; i++) {
-                part++;
-            }
-            return place <= part;
-        }
-
-        private boolean isPassed(int looking, int slot, int formPlace, int limit) {
-            return (slot & ACTIVE) == 0 && !isWithin(looking, slot, formPlace, limit);
-        }
-
-        private void scanInto(int looking, int slot) {
-            boolean isSetting = (slot & TAG_MASK) == OTHER;
-            int part = (slot >>> SLOT_SHIFT) + (isSetting ? 2 : 0);
-            boolean isOne = (slot & TAG_MASK) == SEQUENCE && store.word(looking, part + 1) == 0;
-            if (!isOne) {
-                levels.add(slot);
-                levels.add(isSetting ? part - 2 : part);
-            }
-            note(SCAN_FORM, store.word(looking, part));
-            note(SCAN_PLACE, part);
-        }
-
-        /** Goes on behind a part of a call, a sequence or a setting; whether that was not the last one of the episode. */
-        private boolean scanBehind(int looked, int looking) {
-            int slot = levels.get(levels.used - 2);
-            int place = levels.get(levels.used - 1) + 1;
-            if ((slot & TAG_MASK) == OTHER) {
-                int kind = store.word(looking, place - 1);
-                int set = store.word(looking, place);
-                boolean isLocal = kind == SET_LOCAL;
-                int target = isLocal ? variables.around(heap.at(looked, AROUND), set) : 0;
-                boolean isIt = target == at(TARGET) && (isLocal ? Variables.placeOf(set) : set) == at(TARGET_PLACE);
-                note(LAST, isIt ? place + 1 : at(LAST));
-                levels.used -= 2;
-                return true;
-            }
-            boolean isCall = (slot & TAG_MASK) == CALL;
-            int next = store.word(looking, place);
-            int limit = at(SCAN_LIMIT);
-            for (int i = 0; i < MAX_ROW && isCall && next != 0 && isPassed(looking, next, place, limit); i++) {
-                place++;
-                next = store.word(looking, place);
-            }
-            levels.put(levels.used - 1, place);
-            if (!isCall && store.word(looking, place + 1) == 0) {
-                levels.used -= 2;
-            }
-            note(SCAN_FORM, next);
-            note(SCAN_PLACE, place);
-            return next != 0;
+        private static void swap(int[] row, int one, int other) {
+            int number = at(row, one);
+            put(row, one, at(row, other));
+            put(row, other, number);
         }
     }
 
-    /** The run at hand: procedures are applied, and what is still to be done behind a body is a chain of frames. */
+    /** The run at hand: procedures are applied, and what is still to be done behind a body is a chain of what waits. */
     private static final class Machine {
         // What is counted, of all runs.
         static final int APPLICATIONS = 0;
@@ -4926,44 +5064,51 @@ public final class WindwardScheme {
         private static final int TALLIES = 10;
         private static final byte[] ARGUMENTS = {2, 2, 2, 2, 2, 2, 2, 1, 1, 1, 1, 2, 1, 3, 2, 1, 2, 1, 2, 1};
         private static final int PROCEDURE = 3; // behind the arguments of a primitive
-        private static final int ANSWER = 4; // of first and rest
-        private static final int LENGTH = 5; // of the list that is applied to; -1 if it is none
+        private static final int ANSWER = 4; // of first and rest; or the list that is applied to
+        private static final int LENGTH = 5; // of that; -1 if it is none
         private static final int FIRST_SYMBOL = 17;
         private static final int REST_SYMBOL = 18;
         private static final int FIRST_CONTROL = 22;
         private static final int APPLY_SYMBOL = 24;
         private static final int NOT_SYMBOL = 25;
-        private static final int REGISTERS = 5;
-        private static final int ENTERING = 1;
-        private static final int CELLS_OF_EPISODE = 6;
-        private static final int CELLS_OF_SETTING = 4;
+        private static final int MOST_ARGUMENTS = 1536; // of a call
+        private static final int WORDS_OF_STEP = 3000;
+        // Arguments and settings that are held as they are, if they are no more than these; others are, now and then, so that
+        // no chain of parts is too long.
+        private static final int FEW_ARGUMENTS = 2;
+        private static final int FEW_SETTINGS = 2;
+        private static final int LEAST_PARTS = 64;
 
-        private final Heap heap;
-        private final Values values;
-        private final Variables variables;
+        private final Store store;
+        private final History history;
+        private final Settings settings;
+        private final Finder finder;
         private final Body body;
+        private final Area log;
         private final long[] tallies;
-        private final Row saved;
-        private final Row arguments; // of a primitive, the procedure, and what first comes to
-        private int due; // behind an application, when the body is left: the symbol of a primitive, or ENTERING
-        private int inner; // the environment of the body that is then entered
+        private final long[] arguments; // of a primitive, the procedure, and more
+        private final long[] held; // arguments
+        private int heldCount;
         private char status; // 0 ahead of the first program, 'r', 'v', or the letter of an error
-        private int result;
-        private int frames;
-        private int list; // the arguments, if they are the parts of a list; otherwise 0
+        private long result;
+        private long list; // the arguments, if they are the parts of a list; otherwise 0
+        private int listLength;
         private int topWind;
         private int topHandler;
         private int fuel;
         private int found; // of the procedure and the arguments, for what is applied next
+        private int due; // the primitive that changes what is still to be done; or 0
 
-        Machine(Heap heap, Values values, Variables variables, Body body) {
-            this.heap = heap;
-            this.values = values;
-            this.variables = variables;
-            this.body = body;
+        Machine(Store store, History history, Settings settings, Finder finder) {
+            this.store = store;
+            this.history = history;
+            this.settings = settings;
+            this.finder = finder;
+            log = history.log;
+            body = new Body(store, history, settings, finder);
             tallies = new long[TALLIES];
-            saved = heap.newRoots(REGISTERS, REGISTERS);
-            arguments = heap.newRoots(LENGTH + 1, LENGTH + 1);
+            arguments = new long[LENGTH + 1];
+            held = new long[MOST_ARGUMENTS];
         }
 
         boolean isBegun() {
@@ -4980,22 +5125,16 @@ public final class WindwardScheme {
         }
 
         /** The value with which the run ended. */
-        int result() {
+        long result() {
             return result;
         }
 
         long tally(int which) {
-            return which >= 0 && which < tallies.length ? tallies[which] : 0;
+            return wordAt(tallies, which);
         }
 
         void count(int which, long times) {
-            if (which >= 0 && which < tallies.length) {
-                tallies[which] += times;
-            }
-        }
-
-        private int depthOf(int wind) {
-            return heap.at(heap.at(wind, ITEM), EXTRA);
+            putWord(tallies, which, wordAt(tallies, which) + times);
         }
 
         int countOfWinds() {
@@ -5003,133 +5142,113 @@ public final class WindwardScheme {
         }
 
         int countOfHandlers() {
-            return heap.at(topHandler, EXTRA);
+            return topHandler == 0 ? 0 : (int) (log.get(topHandler) >>> LINK_BITS);
         }
 
         /** Gives up what there was of an earlier run. */
         void stop() {
-            tallies[ABANDONED] += countOfWinds();
-            variables.commit(body.environment, true, false, false);
+            count(ABANDONED, countOfWinds());
+            closeInterval(body.mode == Body.APPLY ? 0 : 'u');
             giveUp();
-            save();
         }
 
-        /** Begins with this program; if it has no slot, it is wrong, and ends at once. */
-        char start(int program, int slot, char wrong) {
-            tallies[APPLICATIONS_OF_RUN] = 0;
+        /** Begins with this program; 0 if it is wrong, and ends at once. */
+        char start(int program, char wrong) {
+            putWord(tallies, APPLICATIONS_OF_RUN, 0);
             status = 'r';
-            body.startWith(program, slot, 0);
-            if (slot == 0) {
-                fail(wrong);
+            if (program == 0 || !hasRoom()) {
+                fail(program == 0 ? wrong : 'o');
+            } else {
+                int root = store.rootOf(program);
+                history.openBody(program << OFFSET_BITS | root, 0, 0, false, 0);
+                body.startWith(program, root, 0);
+                finder.forget();
             }
-            save();
             return stateNow();
         }
 
         /** Lets there be so many applications. */
         void refuel(int units) {
-            heap.calls++;
             fuel = units;
-            if (values.areStampsLarge()) {
-                values.renumber();
-                variables.forgetPlaces();
-            }
         }
 
         /** Goes on with the run; the number of a program that must be expanded for it first, or 0 at the end. */
         int goOn() {
-            for (int i = 0; i < MAX_STEPS && status == 'r' && (body.mode != Body.APPLY || fuel > 0); i++) {
-                boolean hasRoom = hasRoom();
-                if (hasRoom && (values.wanted < 0 || values.wanted == 0 && !body.isFinding() && !body.hasImage())) {
-                    save();
-                    return -values.wanted;
+            for (long i = 0; i < MAX_TURNS && status == 'r' && (body.mode != Body.APPLY || fuel > 0); i++) {
+                if (finder.isBusy()) {
+                    finder.goOn();
                 }
-                if (hasRoom && (values.wanted != 0 || body.isFinding())) {
-                    save();
-                    hasRoom = body.find(RESERVE);
-                } else if (hasRoom && variables.filling != 0) {
-                    variables.goOnFilling();
-                } else if (hasRoom && body.mode == Body.EVALUATE) {
-                    body.evaluate();
-                } else if (hasRoom && body.mode == Body.TAKE && !body.isDone()) {
-                    body.take();
-                } else if (hasRoom && body.mode == Body.TAKE && canGoOn()) {
-                    variables.commit(body.environment, true, true, false);
-                    if (frames == 0) {
-                        finish();
-                    } else {
-                        giveToFrame(frames);
-                    }
-                } else if (hasRoom && body.mode == Body.APPLY && isReady()) {
-                    variables.commit(body.environment, true, false, body.isEpisodeKept());
-                    fuel--;
-                    tallies[APPLICATIONS]++;
-                    tallies[APPLICATIONS_OF_RUN]++;
-                    int procedure = arguments.get(PROCEDURE);
-                    found = 0;
-                    due = 0;
-                    if (heap.kindOf(procedure) == CLOSURE) {
-                        bind(procedure);
-                    } else if (heap.kindOf(procedure) == PRIMITIVE) {
-                        applyPrimitive(heap.at(procedure, AMOUNT));
-                    } else if (heap.kindOf(procedure) == CONTINUATION && argumentCount() == 1) {
-                        jump(procedure, arguments.get(0), 0);
-                    } else {
-                        body.mode = heap.kindOf(procedure) == CONTINUATION ? 'a' : 'n';
-                    }
-                    list = 0;
-                    if (due != 0) {
-                        frames = body.leave(frames);
-                        goInto(procedure);
-                    }
+                int needed = finder.wanted == 0 ? programNeeded() : finder.takeWanted();
+                if (needed != 0 && !store.isLoaded(needed)) {
+                    return needed;
                 }
-                if (!hasRoom || body.mode > Body.APPLY) {
-                    variables.commit(body.environment, false, false, false);
-                    fail(hasRoom ? (char) body.mode : 'o');
+                if (body.isAtWork()) {
+                    body.work();
+                } else if (!hasRoom()) {
+                    body.mode = 'o';
+                } else if (body.mode == Body.APPLY && isReady()) {
+                    perform();
+                } else if (body.mode == Body.TAKE && body.behind == 0) {
+                    finish();
+                } else if (body.mode == Body.TAKE && body.behind < History.SPECIAL) {
+                    body.resume(body.behind, body.value);
+                } else if (body.mode == Body.TAKE) {
+                    giveToFrame(body.behind - History.SPECIAL);
+                }
+                if (body.mode > Body.APPLY) {
+                    fail((char) body.mode);
                 }
             }
-            save();
             return 0;
+        }
+
+        /** The program of which the image is looked at next; or 0. */
+        private int programNeeded() {
+            if (body.isAtWork()) {
+                return body.program;
+            }
+            if (body.mode == Body.APPLY) {
+                long procedure = found > 0 ? wordAt(arguments, PROCEDURE) : 0;
+                return tagOf(procedure) == CLOSURE ? history.programOf(actOf(procedure)) : 0;
+            }
+            boolean isBody = body.behind > 0 && body.behind < History.SPECIAL;
+            return isBody ? history.programOf(history.actOf(body.behind, History.END)) : 0;
+        }
+
+        private static int actOf(long closure) {
+            return (int) (closure >>> VALUE_BITS + OFFSET_BITS) & INTERVAL_MASK;
         }
 
         /** Goes on behind the expansion of a program, which may have found no room. */
         void takeProgram(boolean isThere) {
-            values.wanted = 0;
             if (!isThere) {
-                body.dropTasks();
-                variables.commit(body.environment, false, false, false);
                 fail('o');
             }
         }
 
         /** Whether there is room for the next step. */
         private boolean hasRoom() {
-            int needed = STEP
-                    + CELLS_OF_EPISODE * values.countOfEpisodes()
-                    + CELLS_OF_SETTING * variables.countOfSettings();
-            heap.growKnown();
-            if (heap.freeCells >= needed) {
-                return true;
+            int words = WORDS_OF_STEP + 2 * settings.count;
+            int interval = history.now + 1;
+            int blocks = history.blocksFor(words) + settings.blocksFor(interval);
+            if (blocks == 0) {
+                return interval < History.MOST_INTERVALS;
             }
-            save();
-            return heap.makeRoom(needed, RESERVE);
-        }
-
-        /** Lets the heap see what is in use. */
-        private void save() {
-            body.save();
-            saved.put(0, frames);
-            saved.put(1, topWind);
-            saved.put(2, topHandler);
-            saved.put(3, list);
-            saved.put(4, result);
+            boolean isFull = history.blocks() + settings.blocks() + blocks > MOST_OF_HISTORY;
+            if (isFull || !store.makeRoom(blocks, body.program)) {
+                return false;
+            }
+            history.take(words);
+            settings.take(interval);
+            return interval < History.MOST_INTERVALS;
         }
 
         private void giveUp() {
             body.end(0);
+            body.behind = 0;
+            finder.drop();
             found = 0;
-            variables.forgetAll();
-            frames = 0;
+            heldCount = 0;
             list = 0;
             topWind = 0;
             topHandler = 0;
@@ -5137,44 +5256,68 @@ public final class WindwardScheme {
         }
 
         private void fail(char errorLetter) {
-            tallies[ABANDONED] += countOfWinds();
+            count(ABANDONED, countOfWinds());
+            closeInterval(errorLetter);
             giveUp();
             end(errorLetter);
         }
 
         private void finish() {
-            int last = body.value;
+            long last = body.value;
+            closeInterval(0);
             giveUp();
             result = last;
             end('v');
-            tallies[ENDED_WITH_VALUE]++;
+            count(ENDED_WITH_VALUE, 1);
         }
 
         private void end(char how) {
             status = how;
-            tallies[ENDED]++;
-            tallies[APPLICATIONS_OF_ENDED] += tallies[APPLICATIONS_OF_RUN];
+            count(ENDED, 1);
+            count(APPLICATIONS_OF_ENDED, tally(APPLICATIONS_OF_RUN));
         }
 
-        private void push(int frameKind, int subject, int extra) {
-            frames = heap.make(frameKind, 0, subject, frames, extra);
+        /** Ends the interval at hand, if there is one: at the call that is next, or at the form with an error in it. */
+        private void closeInterval(int errorLetter) {
+            if (!history.isOpen) {
+                return;
+            }
+            if (settings.count > 0 && settings.areKnown() && (isFew() || isHeldNow(settings.count))) {
+                history.addExtra(History.SETTINGS_EXTRA, settings.count);
+                for (int i = 0; i < settings.count; i++) {
+                    long key = Finder.keyOfSetting(settings.environmentOf(i), settings.placeOf(i));
+                    history.addTwo(key, settings.contentOf(i));
+                }
+            }
+            settings.addFilter();
+            boolean isStopped = errorLetter == 'u';
+            int drops = body.dropsValue() ? History.DROPPING : 0;
+            history.close(isStopped ? body.placeOfForm() : body.placeOfCall(), isStopped ? History.STOPPED : drops);
+            settings.commit(history.now);
         }
 
-        // ---- frames
+        private boolean isFew() {
+            return settings.count <= FEW_SETTINGS && history.isRoomy();
+        }
 
-        /** Whether all is at hand to go on with what is still to be done. */
-        private boolean canGoOn() {
-            return heap.kindOf(frames) != BODY_FRAME || body.canGoTo(heap.noteOf(frames));
+        /** Whether so many values are held now, where some are, now and then. */
+        private boolean isHeldNow(int count) {
+            return history.isRoomy() && (history.now * 0x9E3779B1 >>> 1) % (LEAST_PARTS + count / 2) == 0;
+        }
+
+        // ---- what waits
+
+        private void push(int frame, int subject, long extra) {
+            long word = frame | (long) body.behind << FRAME_BITS | (long) subject << FRAME_BITS + LINK_BITS;
+            body.behind = History.SPECIAL + history.addTwo(word, extra);
         }
 
         private void giveToFrame(int frame) {
-            frames = heap.at(frame, NEXT);
-            int subject = heap.at(frame, ITEM);
-            int extra = heap.at(frame, EXTRA);
-            switch (heap.kindOf(frame)) {
-                case BODY_FRAME:
-                    body.resume(frame);
-                    break;
+            long word = log.get(frame);
+            long extra = log.get(frame + 1);
+            int subject = (int) (word >>> FRAME_BITS + LINK_BITS) & LINK_MASK;
+            body.behind = (int) (word >>> FRAME_BITS) & LINK_MASK;
+            switch ((int) word & FRAME_MASK) {
                 case HANDLER_FRAME:
                     topHandler = subject;
                     break;
@@ -5184,18 +5327,18 @@ public final class WindwardScheme {
                     body.applyLater(extra);
                     break;
                 case DURING_FRAME:
-                    push(AFTER_FRAME, body.value, 0);
+                    push(AFTER_FRAME, 0, body.value);
                     leaveWind(subject);
                     break;
                 case AFTER_FRAME:
-                    body.value = subject;
+                    body.value = extra;
                     break;
                 case JUMP_FRAME:
-                    goOnWithJump(subject, extra);
+                    goOnWithJump(subject, (int) extra);
                     break;
                 case ENTER_FRAME:
-                    enter(extra);
-                    goOnWithJump(subject, extra);
+                    enter((int) extra);
+                    goOnWithJump(subject, (int) extra);
                     break;
                 default:
                     // A prompt that is come back to lets the value through.
@@ -5205,56 +5348,56 @@ public final class WindwardScheme {
 
         private void enter(int wind) {
             topWind = wind;
-            tallies[ENTERED]++;
+            count(ENTERED, 1);
         }
 
         /** Leaves the innermost wind, and applies its after. */
         private void leaveWind(int wind) {
-            topWind = heap.at(wind, NEXT);
-            tallies[LEFT]++;
-            topHandler = heap.at(wind, EXTRA);
-            body.applyLater(heap.at(heap.at(wind, ITEM), NEXT));
+            topWind = aroundOf(wind);
+            count(LEFT, 1);
+            topHandler = handlersOf(wind);
+            body.applyLater(log.get(wind + 2));
         }
 
         // ---- applications
 
         private int argumentCount() {
-            return list == 0 ? body.countOfArguments() : values.lengthOf(list);
+            return list == 0 ? body.countOfArguments() : listLength;
         }
 
-        /**
-         * Whether all is at hand that the application needs; otherwise something is wanted. What was found is not looked for
-         * again.
-         */
+        /** An argument of what is applied next; 0 if it is being looked for, or a program is wanted for it. */
+        private long argumentAt(int index) {
+            if (list == 0) {
+                return body.valueAt(body.start + 1 + index);
+            }
+            long tail = finder.tailOf(list, index);
+            return tail == 0 ? 0 : finder.firstOf(tail);
+        }
+
+        /** Whether all is at hand that the application needs. What was found is not looked for again. */
         private boolean isReady() {
-            int procedure = found > 0 ? arguments.get(PROCEDURE) : body.valueAt(body.start);
-            int symbol = heap.kindOf(procedure) == PRIMITIVE ? heap.at(procedure, AMOUNT) : 0;
-            int count = argumentCount();
-            if (procedure == 0 || values.wanted != 0) {
+            long procedure = found > 0 ? wordAt(arguments, PROCEDURE) : body.valueAt(body.start);
+            if (procedure == 0) {
                 return false;
             }
-            arguments.put(PROCEDURE, procedure);
+            putWord(arguments, PROCEDURE, procedure);
             found = Math.max(found, 1);
-            int needed = symbol == 0 ? 1 : argumentsOf(symbol);
-            if (heap.kindOf(procedure) == CLOSURE || count != needed) {
-                return true;
+            if (tagOf(procedure) == CLOSURE) {
+                return store.isLoaded(history.programOf(actOf(procedure))) && areArgumentsReady() && areSettingsReady();
             }
-            for (; found <= needed; found++) {
-                int left = list == 0 ? 0 : values.tailOf(list, found - 1);
-                int argument = list == 0 ? body.valueAt(body.start + found) : left == 0 ? 0 : values.firstOf(left);
+            int symbol = isPrimitive(procedure) ? atomNumber(procedure) : 0;
+            int needed = symbol == 0 ? 1 : argumentsOf(symbol);
+            for (; found <= needed && argumentCount() == needed; found++) {
+                long argument = argumentAt(found - 1);
                 if (argument == 0) {
                     return false;
                 }
-                arguments.put(found - 1, argument);
+                putWord(arguments, found - 1, argument);
             }
-            int one = arguments.get(0);
-            boolean isOfPair = (symbol == FIRST_SYMBOL || symbol == REST_SYMBOL) && values.isPair(one);
-            if (isOfPair) {
-                arguments.put(ANSWER, symbol == FIRST_SYMBOL ? values.firstOf(one) : values.restOf(one));
-            } else if (symbol == APPLY_SYMBOL) {
-                arguments.put(LENGTH, values.lengthOf(arguments.get(1)));
+            if (argumentCount() == needed && !isAnswerReady(symbol)) {
+                return false;
             }
-            return values.wanted == 0;
+            return areSettingsReady();
         }
 
         private static int argumentsOf(int symbol) {
@@ -5262,27 +5405,146 @@ public final class WindwardScheme {
             return place >= 0 && place < ARGUMENTS.length ? ARGUMENTS[place] : 0;
         }
 
-        /** Makes the environment in which the body of a closure is evaluated. */
-        private void bind(int closure) {
-            int info = heap.noteOf(closure);
-            int parameters = info >> 1;
+        /** Whether the parts of a pair and the length of a list are at hand that a primitive needs. */
+        private boolean isAnswerReady(int symbol) {
+            long one = wordAt(arguments, 0);
+            long answer = 1;
+            if (symbol == FIRST_SYMBOL && isPairValue(one)) {
+                answer = finder.firstOf(one);
+            } else if (symbol == REST_SYMBOL && isPairValue(one)) {
+                answer = finder.restOf(one);
+            } else if (symbol == APPLY_SYMBOL) {
+                putWord(arguments, LENGTH, finder.lengthOf(wordAt(arguments, 1)));
+                answer = finder.wanted != 0 ? 0 : finder.plainList(wordAt(arguments, 1));
+            }
+            putWord(arguments, ANSWER, answer);
+            return answer != 0;
+        }
+
+        /** Whether the arguments that are to be held are at hand. */
+        private boolean areArgumentsReady() {
+            int count = argumentCount();
+            boolean isFromCode = list == 0 && history.isOpen && body.placeOfCall() != 0;
+            if (!isFromCode || count <= 0 || count > MOST_ARGUMENTS) {
+                return true;
+            }
+            if (count <= FEW_ARGUMENTS && history.isRoomy()) {
+                boolean areKnown = true;
+                for (int i = 0; i < count; i++) {
+                    putWord(held, i, body.plainAt(body.start + 1 + i));
+                    areKnown = areKnown && wordAt(held, i) != 0;
+                }
+                heldCount = areKnown ? count : 0;
+            }
+            if (heldCount == 0 && !isHeldNow(count)) {
+                return true;
+            }
+            for (; heldCount < count; heldCount++) {
+                long argument = body.valueAt(body.start + 1 + heldCount);
+                if (argument == 0) {
+                    return false;
+                }
+                putWord(held, heldCount, argument);
+            }
+            return true;
+        }
+
+        /** Whether it is known what variables were set to, if that is to be held. */
+        private boolean areSettingsReady() {
+            boolean isHeld = history.isOpen && settings.count > 0 && !settings.areTooMany && isHeldNow(settings.count);
+            for (int i = 0; i < settings.count && isHeld; i++) {
+                if (settings.contentOf(i) == 0) {
+                    long value = finder.variableNow(settings.environmentOf(i), settings.placeOf(i));
+                    if (value == 0) {
+                        return false;
+                    }
+                    settings.setContent(i, value);
+                }
+            }
+            return true;
+        }
+
+        /** Applies the procedure. */
+        private void perform() {
+            boolean isFromCode = list == 0 && history.isOpen && body.placeOfCall() != 0;
+            closeInterval(0);
+            fuel--;
+            count(APPLICATIONS, 1);
+            count(APPLICATIONS_OF_RUN, 1);
+            long procedure = wordAt(arguments, PROCEDURE);
+            found = 0;
+            due = 0;
+            if (tagOf(procedure) == CLOSURE) {
+                bind(procedure, isFromCode);
+            } else if (isPrimitive(procedure)) {
+                applyPrimitive(atomNumber(procedure));
+            } else if (tagOf(procedure) == CONTINUATION && argumentCount() == 1) {
+                jump((int) (procedure >>> VALUE_BITS), wordAt(arguments, 0), 0);
+            } else {
+                body.mode = tagOf(procedure) == CONTINUATION ? 'a' : 'n';
+            }
+            list = 0;
+            heldCount = 0;
+            if (due != 0) {
+                body.leave();
+                control(due, wordAt(arguments, 0), wordAt(arguments, 1), wordAt(arguments, 2));
+            }
+        }
+
+        /** Begins with the body of a closure. */
+        private void bind(long closure, boolean isFromCode) {
+            int act = actOf(closure);
+            int program = history.programOf(act);
+            int offset = (int) (closure >>> VALUE_BITS) & OFFSET_MASK;
+            int info = store.word(program, offset + 1);
+            int parameters = info >> 1 & REST - 1;
             boolean hasRest = (info & 1) != 0;
             int count = argumentCount();
             if (count < parameters || count > parameters && !hasRest) {
                 body.mode = 'a';
                 return;
             }
-            int row = list == 0
-                    ? body.rowOfArguments(parameters, count, hasRest)
-                    : values.rowOfList(list, parameters, hasRest);
-            int bound = parameters + (hasRest ? 1 : 0);
-            inner = heap.at(closure, AROUND);
-            if (bound == 1 && !values.isRow(row)) {
-                inner = heap.make(ONE_ENVIRONMENT, 0, row, inner, 0);
-            } else if (bound > 0) {
-                inner = heap.make(ENVIRONMENT, 0, row, inner, body.placeOfCall() << COUNT_BITS | bound);
+            boolean hasVariables = parameters > 0 || hasRest;
+            int around = history.environmentOf(act);
+            int sets = info >>> SETS_SHIFT & SETS_MASK;
+            body.leave();
+            history.openBody(program << OFFSET_BITS | offset, body.behind, around, hasVariables, sets);
+            if (hasVariables) {
+                noteArguments(count, hasRest, isFromCode);
+                rememberArguments(parameters, hasRest, count);
             }
-            due = ENTERING;
+            body.startWith(program, offset, hasVariables ? history.now : around);
+            finder.forget();
+        }
+
+        /** Notes where the arguments are found, if not in the call that the interval before ended with. */
+        private void noteArguments(int count, boolean hasRest, boolean isFromCode) {
+            if (list != 0) {
+                history.addExtra(History.LIST_EXTRA, count);
+                history.add(list);
+            } else if (heldCount > 0) {
+                history.addExtra(History.ARGUMENTS_EXTRA, count);
+                for (int i = 0; i < count; i++) {
+                    history.add(wordAt(held, i));
+                }
+            } else if (!isFromCode && count == 1) {
+                history.addExtra(History.ONE_EXTRA, 1);
+                history.add(body.plainAt(body.start + 1));
+            } else if (hasRest) {
+                history.addExtra(History.COUNT_EXTRA, count);
+            }
+        }
+
+        private void rememberArguments(int parameters, boolean hasRest, int count) {
+            for (int i = 0; i < parameters && list == 0; i++) {
+                long argument = heldCount > 0 ? wordAt(held, i) : body.plainAt(body.start + 1 + i);
+                if (argument != 0) {
+                    settings.remember(history.now, i, argument);
+                }
+            }
+            if (hasRest) {
+                settings.remember(history.now, parameters | REST, Finder.view(history.now, parameters, count));
+            }
         }
 
         /** Applies a primitive; one that changes what is still to be done is then due. */
@@ -5295,49 +5557,93 @@ public final class WindwardScheme {
                 due = symbol;
                 return;
             }
-            int one = arguments.get(0);
-            int answer = -'t';
+            long one = wordAt(arguments, 0);
+            long answer = -'t';
             if (symbol != FIRST_SYMBOL && symbol != REST_SYMBOL) {
-                answer = values.answer(symbol, one, arguments.get(1));
-            } else if (values.isPair(one)) {
-                answer = arguments.get(ANSWER);
+                answer = answerOf(symbol, one, wordAt(arguments, 1));
+            } else if (isPairValue(one)) {
+                answer = wordAt(arguments, ANSWER);
             }
-            if (answer < 0) {
-                body.mode = -answer;
+            if (answer < 0 && answer > -256) {
+                body.mode = (int) -answer;
             } else {
                 body.giveForCall(answer);
             }
         }
 
-        /** Goes on with what is due when the body has been left. */
-        private void goInto(int procedure) {
-            if (due == ENTERING) {
-                int address = heap.at(procedure, CODE);
-                int slots = (address & OFFSET_MASK) + BODY_PLACE;
-                body.startWith(address >>> OFFSET_BITS, SEQUENCE | ACTIVE | slots << SLOT_SHIFT, inner);
-            } else {
-                control(due, arguments.get(0), arguments.get(1), arguments.get(2));
+        /** What a primitive comes to, but for first and rest; below 0 is an error: minus its letter. */
+        private long answerOf(int symbol, long one, long other) {
+            switch (symbol) {
+                case 16:
+                    return PAIR | (long) history.addTwo(one, other) << VALUE_BITS;
+                case 19:
+                    return isPairValue(one) ? TRUE : FALSE;
+                case 20:
+                    return one == EMPTY ? TRUE : FALSE;
+                case 21:
+                    return one == other ? TRUE : FALSE;
+                case 25:
+                    return one == FALSE ? TRUE : FALSE;
+                default:
+                    return tagOf(one) == NUMBER && tagOf(other) == NUMBER ? reckon(symbol, one, other) : -'t';
             }
         }
 
-        private void control(int symbol, int one, int other, int third) {
+        /** The primitives of numbers. No product of two parts in range is over 10 to the 18th: nothing wraps around. */
+        private static long reckon(int symbol, long one, long other) {
+            long a = numeratorOf(one);
+            long b = denominatorOf(one);
+            long c = numeratorOf(other);
+            long d = denominatorOf(other);
+            long answer;
+            switch (symbol) {
+                case 10:
+                    answer = fraction(a * d + c * b, b * d);
+                    break;
+                case 11:
+                    answer = fraction(a * d - c * b, b * d);
+                    break;
+                case 12:
+                    answer = fraction(a * c, b * d);
+                    break;
+                case 13:
+                    if (c == 0) {
+                        return -'z';
+                    }
+                    answer = fraction(a * d, b * c);
+                    break;
+                case 14:
+                    return a * d < c * b ? TRUE : FALSE;
+                default:
+                    return a == c && b == d ? TRUE : FALSE;
+            }
+            return answer == 0 ? -'o' : answer;
+        }
+
+        private int continuation() {
+            return history.addTwo(body.behind | (long) topWind << LINK_BITS, topHandler);
+        }
+
+        private void control(int symbol, long one, long other, long third) {
             switch (symbol) {
                 case 22:
+                    long continuation = CONTINUATION | (long) continuation() << VALUE_BITS;
                     body.applyLater(one);
-                    body.push(heap.make(CONTINUATION, 0, frames, topWind, topHandler));
+                    body.push(continuation);
                     break;
                 case 23:
                     wind(one, other, third);
                     break;
                 case 24:
                     body.applyLater(one);
-                    list = other;
-                    if (arguments.get(LENGTH) < 0) {
+                    list = wordAt(arguments, ANSWER);
+                    listLength = (int) wordAt(arguments, LENGTH);
+                    if (listLength < 0) {
                         body.mode = 't';
                     }
                     break;
                 case 26:
-                    push(PROMPT_FRAME, other, heap.make(CONTINUATION, 0, frames, topWind, topHandler));
+                    push(PROMPT_FRAME, continuation(), other);
                     body.applyLater(one);
                     break;
                 case 27:
@@ -5345,12 +5651,14 @@ public final class WindwardScheme {
                     if (prompt == 0) {
                         body.mode = 'w';
                     } else {
-                        jump(heap.at(prompt, EXTRA), one, heap.at(prompt, ITEM));
+                        int place = prompt - History.SPECIAL;
+                        int target = (int) (log.get(place) >>> FRAME_BITS + LINK_BITS) & LINK_MASK;
+                        jump(target, one, log.get(place + 1));
                     }
                     break;
                 case 28:
                     push(HANDLER_FRAME, topHandler, 0);
-                    topHandler = heap.make(HANDLER, 0, one, topHandler, countOfHandlers() + 1);
+                    topHandler = history.addTwo(topHandler | (long) countOfHandlers() + 1 << LINK_BITS, one);
                     body.applyLater(other);
                     break;
                 default:
@@ -5358,54 +5666,84 @@ public final class WindwardScheme {
             }
         }
 
-        // A wind knows its parent and one further out, so that any that is around it is found in a few steps.
-        private void wind(int before, int during, int after) {
-            int thunks = heap.make(THUNKS, 0, before, after, depthOf(topWind) + 1);
-            int out = heap.noteOf(topWind);
-            int further = heap.noteOf(out);
-            boolean isEven = depthOf(topWind) - depthOf(out) == depthOf(out) - depthOf(further);
-            int wind = heap.make(WIND, topWind != 0 && isEven ? further : topWind, thunks, topWind, topHandler);
-            push(BEFORE_FRAME, wind, during);
-            body.applyLater(before);
-        }
-
-        private void raise(int raised) {
+        private void raise(long raised) {
             if (topHandler == 0) {
                 body.mode = 'h';
                 return;
             }
             int handler = topHandler;
             push(HANDLER_FRAME, handler, 0);
-            topHandler = heap.at(handler, NEXT);
-            body.applyLater(heap.at(handler, ITEM));
+            topHandler = (int) log.get(handler) & LINK_MASK;
+            body.applyLater(log.get(handler + 1));
             body.push(raised);
         }
 
-        /** The frame of the innermost prompt; 0 if there is none. */
+        /** The innermost prompt that is still to be come back to; 0 if there is none. */
         private int innermostPrompt() {
-            int frame = frames;
-            for (int i = 0; i < MAX_CELLS && frame != 0 && heap.kindOf(frame) != PROMPT_FRAME; i++) {
-                frame = heap.at(frame, NEXT);
+            int frame = body.behind;
+            for (int i = 0; i < MAX_STEPS && frame != 0; i++) {
+                if (frame < History.SPECIAL) {
+                    frame = history.behind(history.actOf(frame, History.END));
+                } else {
+                    long word = log.get(frame - History.SPECIAL);
+                    if ((word & FRAME_MASK) == PROMPT_FRAME) {
+                        return frame;
+                    }
+                    frame = (int) (word >>> FRAME_BITS) & LINK_MASK;
+                }
             }
-            return frame;
+            return 0;
+        }
+
+        // ---- winds and jumps
+
+        // A wind is four words: the wind around it, and one further out, so that any that is around is found in a few steps;
+        // before; after; the handlers around it, and how many winds there are with it.
+        private void wind(long before, long during, long after) {
+            int out = furtherOf(topWind);
+            int further = furtherOf(out);
+            boolean isEven = depthOf(topWind) - depthOf(out) == depthOf(out) - depthOf(further);
+            int far = topWind != 0 && isEven ? further : topWind;
+            int wind = history.addTwo(topWind | (long) far << LINK_BITS, before);
+            history.addTwo(after, topHandler | (long) depthOf(topWind) + 1 << LINK_BITS);
+            push(BEFORE_FRAME, wind, during);
+            body.applyLater(before);
+        }
+
+        private int aroundOf(int wind) {
+            return wind == 0 ? 0 : (int) log.get(wind) & LINK_MASK;
+        }
+
+        private int furtherOf(int wind) {
+            return wind == 0 ? 0 : (int) (log.get(wind) >>> LINK_BITS) & LINK_MASK;
+        }
+
+        private int handlersOf(int wind) {
+            return (int) log.get(wind + 3) & LINK_MASK;
+        }
+
+        private int depthOf(int wind) {
+            return wind == 0 ? 0 : (int) (log.get(wind + 3) >>> LINK_BITS);
         }
 
         /** Jumps to a continuation, where the value goes on, or is taken by a procedure. */
-        private void jump(int target, int carried, int taker) {
-            tallies[JUMPS]++;
-            int goal = heap.make(GOAL, 0, target, carried, taker);
-            frames = 0;
-            push(JUMP_FRAME, goal, innermostOfBoth(topWind, heap.at(target, WINDS)));
-            body.end(NOTHING_CELL);
+        private void jump(int target, long carried, long taker) {
+            count(JUMPS, 1);
+            int goal = history.addTwo(target, carried);
+            history.add(taker);
+            int winds = (int) (log.get(target) >>> LINK_BITS) & LINK_MASK;
+            body.behind = 0;
+            push(JUMP_FRAME, goal, innermostOfBoth(topWind, winds));
+            body.end(NOTHING);
         }
 
         /** The wind at this depth that is around a wind, or is that one. */
         private int windAround(int wind, int depth) {
             int around = wind;
-            for (int i = 0; i < MAX_CELLS && heap.at(heap.at(around, ITEM), EXTRA) > depth; i++) {
-                int further = heap.noteOf(around);
-                boolean isWithin = heap.at(heap.at(further, ITEM), EXTRA) >= depth;
-                around = isWithin ? further : heap.at(around, NEXT);
+            for (int i = 0; i < MAX_STEPS && around != 0 && log.get(around + 3) >>> LINK_BITS > depth; i++) {
+                int further = (int) (log.get(around) >>> LINK_BITS) & LINK_MASK;
+                boolean isWithin = (further == 0 ? 0 : log.get(further + 3) >>> LINK_BITS) >= depth;
+                around = isWithin ? further : (int) log.get(around) & LINK_MASK;
             }
             return around;
         }
@@ -5413,36 +5751,36 @@ public final class WindwardScheme {
         private int innermostOfBoth(int one, int other) {
             int a = windAround(one, depthOf(other));
             int b = windAround(other, depthOf(one));
-            for (int i = 0; i < MAX_CELLS && a != b; i++) {
-                boolean isFar = heap.noteOf(a) != heap.noteOf(b);
-                a = isFar ? heap.noteOf(a) : heap.at(a, NEXT);
-                b = isFar ? heap.noteOf(b) : heap.at(b, NEXT);
+            for (int i = 0; i < MAX_STEPS && a != b; i++) {
+                boolean isFar = furtherOf(a) != furtherOf(b);
+                a = isFar ? furtherOf(a) : aroundOf(a);
+                b = isFar ? furtherOf(b) : aroundOf(b);
             }
             return a;
         }
 
         /** Leaves the next wind that the goal is not in, or enters the next one that it is in, or arrives. */
         private void goOnWithJump(int goal, int staying) {
-            int target = heap.at(goal, ITEM);
-            int innermost = heap.at(target, WINDS);
-            frames = heap.at(target, FRAMES);
+            long target = log.get((int) log.get(goal));
+            int innermost = (int) (target >>> LINK_BITS) & LINK_MASK;
+            body.behind = (int) target & LINK_MASK;
             if (topWind != staying && topWind != 0) {
                 push(JUMP_FRAME, goal, staying);
                 leaveWind(topWind);
             } else if (staying != innermost) {
                 int next = windAround(innermost, depthOf(staying) + 1);
                 push(ENTER_FRAME, goal, next);
-                topHandler = heap.at(next, EXTRA);
-                body.applyLater(heap.at(heap.at(next, ITEM), ITEM));
+                topHandler = handlersOf(next);
+                body.applyLater(log.get(next + 1));
             } else {
-                topHandler = heap.at(target, HANDLERS);
-                arrive(heap.at(goal, NEXT), heap.at(goal, EXTRA));
+                topHandler = (int) log.get((int) log.get(goal) + 1) & LINK_MASK;
+                arrive(log.get(goal + 1), log.get(goal + 2));
             }
         }
 
-        private void arrive(int carried, int taker) {
+        private void arrive(long carried, long taker) {
             if (taker == 0) {
-                body.give(carried);
+                body.end(carried);
             } else {
                 body.applyLater(taker);
                 body.push(carried);

@@ -307,7 +307,7 @@ public final class ManyValues {
                 due(form + " " + i, x.run(1), 'v');
             }
             due(form + " expansions", x.expansions(), 40 * 199);
-            RoomTests.room(form, x, 1000000);
+            RoomTests.room(form, x, 1300000);
         }
     }
 
@@ -515,6 +515,6 @@ public final class ManyValues {
             due(what, finish(x, probe.replace("%d", "s57")), 'v');
             due(what + " value", RoomTests.valueOf(x), 1039 - i);
         }
-        RoomTests.room(what + " of programs", x, 2500000);
+        RoomTests.room(what + " of programs", x, 4200000);
     }
 }

@@ -89,7 +89,7 @@ public final class ToldFaults {
         due(what + " value", state == 'v' ? RoomTests.valueOf(x) : state, value);
     }
 
-    /** Plays calls: e empty, s symbol, p pair, n number, b begin, r run, each with its arguments, what it must answer, and how often. */
+    /** Plays calls, by the letters in answer(), each with its arguments, what it must answer or throw, and how often. */
     private static void play(WindwardScheme x, String calls) {
         for (String call : calls.split(";")) {
             String[] words = call.split(" ");
@@ -98,26 +98,41 @@ public final class ToldFaults {
             for (int i = 0; i < times; i++) {
                 Object got;
                 long begun = System.nanoTime();
-                switch (words[0]) {
-                    case "e": got = x.empty(); break;
-                    case "s": got = x.symbol(Integer.parseInt(words[1])); break;
-                    case "n": got = x.number(Integer.parseInt(words[1]), Integer.parseInt(words[2])); break;
-                    case "p": got = x.pair(Integer.parseInt(words[1]), Integer.parseInt(words[2])); break;
-                    case "t": got = x.truth(Boolean.parseBoolean(words[1])); break;
-                    case "b": got = x.begin(Integer.parseInt(words[1])); break;
-                    case "x": got = x.writeExpanded(Integer.parseInt(words[1])); break;
-                    case "g": got = x.writeGlobal(Integer.parseInt(words[1])); break;
-                    case "K": got = x.valueKind(); break;
-                    case "A": got = x.valueAmount(); break;
-                    case "W": got = x.writeValue(); break;
-                    case "S": got = x.state(); break;
-                    case "E": got = x.state() == 'e' ? x.error() : "THREW"; break;
-                    default: got = x.run(Integer.parseInt(words[1]));
+                try {
+                    got = answer(x, words);
+                } catch (RuntimeException e) {
+                    got = "throws." + e.getClass().getSimpleName();
                 }
                 due(call + " (" + i + ")", got, want);
                 double seconds = (System.nanoTime() - begun) / 1e9;
                 if (seconds > MOST_SECONDS) due(call + " (" + i + ")", seconds + " s", "in time");
             }
+        }
+    }
+
+    private static Object answer(WindwardScheme x, String[] words) {
+        int one = words.length > 1 && words[1].matches("-?\\d+") ? Integer.parseInt(words[1]) : 0;
+        switch (words[0]) {
+            case "e": return x.empty();
+            case "s": return x.symbol(one);
+            case "n": return x.number(one, Integer.parseInt(words[2]));
+            case "p": return x.pair(one, Integer.parseInt(words[2]));
+            case "t": return x.truth(Boolean.parseBoolean(words[1]));
+            case "b": return x.begin(one);
+            case "x": return x.writeExpanded(one);
+            case "g": return x.writeGlobal(one);
+            case "K": return x.valueKind();
+            case "A": return x.valueAmount();
+            case "W": return x.writeValue();
+            case "S": return x.state();
+            case "E": return x.state() == 'e' ? x.error() : "THREW";
+            case "k": return x.kind(one);
+            case "a": return x.amount(one);
+            case "o": return x.isSound();
+            case "T": return x.type((char) one);
+            case "R": return x.read();
+            case "C": return x.charAt(one);
+            default: return x.run(one);
         }
     }
 

@@ -12,36 +12,37 @@ import java.util.Map;
 import java.util.spi.ToolProvider;
 
 /**
- * RandomRuns and DeepRuns on copies of the class in which what is rare is common: no value is held that can be evaluated again, little
- * is kept, images are given up at once, cells are collected all the time. Every answer must still be the same. Run from
+ * RandomRuns and DeepRuns on copies of the class in which what is rare is common: no value is held that can be found again,
+ * nothing is remembered, tests are not known, images are given up at once. Every answer must still be the same. Run from
  * the project's root. Arguments: how many objects for each copy, the first seed, the copies (if not all of them).
  */
 public final class Variants {
-    private static final String[] LAZY = {"MOST_PLAIN = 3;", "MOST_PLAIN = -1;"};
-    private static final String[] LAZY_VERSIONS = and(LAZY, "MOST_SETTINGS = 2;", "MOST_SETTINGS = 0;", "MOST_AT_END = 12;", "MOST_AT_END = 0;");
-    private static final String[] OFTEN_HELD = {"Math.max(LEAST_LENGTH, countOf(environment))", "1", "MOST_GLOBAL = 64;", "MOST_GLOBAL = 2;"};
-    private static final String[] NEVER_HELD = {"Math.max(LEAST_LENGTH, countOf(environment))", "1000000", "MOST_GLOBAL = 64;", "MOST_GLOBAL = 1000000;"};
+    private static final String[] LAZY = {"FEW_ARGUMENTS = 2;", "FEW_ARGUMENTS = 0;", "FEW_SETTINGS = 2;", "FEW_SETTINGS = 0;"};
+    private static final String[] NEVER = and(LAZY, "return history.isRoomy() && (history.now", "return history.now < 0 && (history.now");
+    private static final String[] ALWAYS = {"% (LEAST_PARTS + count / 2) == 0", "% (LEAST_PARTS + count / 2) >= 0"};
+    private static final String[] FORGETFUL = {" LEAST_CACHE = 256;", " LEAST_CACHE = 4;", "MOST_CACHE = 1 << 18;", "MOST_CACHE = 4;",
+        " LEAST_TABLE = 256;", " LEAST_TABLE = 4;", "MOST_KNOWN = 1 << 16;", "MOST_KNOWN = 4;", "MOST_PASSES = 1 << 14;", "MOST_PASSES = 4;",
+        "MOST_WAYS = 1 << 14;", "MOST_WAYS = 4;", " LEAST_WALK = 256;", " LEAST_WALK = 2;", "MOST_WALK = 1 << 15;", "MOST_WALK = 2;"};
+    private static final String[] NO_TESTS = {"MOST_TESTS = 1 << 17;", "MOST_TESTS = 0;", "FEW_TESTS = 21;", "FEW_TESTS = 0;"};
+    private static final String[] MANY_SETTINGS = {" MOST = 2048;", " MOST = 2;", "MOST_KEYS = 24;", "MOST_KEYS = 0;"};
 
     private static final Map<String, String[]> CHANGES = new LinkedHashMap<>();
 
     static {
-        CHANGES.put("nothing is held", LAZY);
-        CHANGES.put("always collected", and(LAZY, "if (made >= due)", "if (made >= 100)", "heap.freeCells >= needed)",
-                "heap.freeCells >= needed && false)", "if (heap.freeCells < STEP) {", "if (true) {"));
-        CHANGES.put("little is known", and(LAZY, " KNOWN_SHIFT = 18;", " KNOWN_SHIFT = 26;", "FEW_KNOWN_SHIFT = 24;", "FEW_KNOWN_SHIFT = 26;", "WAYS = 4;", "WAYS = 2;"));
-        CHANGES.put("few tasks", and(LAZY_VERSIONS, "MOST_TASKS = 1000;", "MOST_TASKS = 2;"));
-
-        CHANGES.put("all is versions", LAZY_VERSIONS);
-        CHANGES.put("often held", and(LAZY_VERSIONS, OFTEN_HELD));
-        CHANGES.put("never held", and(LAZY_VERSIONS, NEVER_HELD));
-        CHANGES.put("plain and often held", OFTEN_HELD);
-        CHANGES.put("groups at once", and(LAZY_VERSIONS, "FEW_TOGETHER = 2;", "FEW_TOGETHER = 1;"));
-        CHANGES.put("groups often held", and(and(LAZY_VERSIONS, OFTEN_HELD), "FEW_TOGETHER = 2;", "FEW_TOGETHER = 1;", "MOST_LOOKED = 256;", "MOST_LOOKED = 1;"));
-        CHANGES.put("groups that stay", and(and(LAZY_VERSIONS, NEVER_HELD), "FEW_TOGETHER = 2;", "FEW_TOGETHER = 1;", "if (made >= due)", "if (made >= 500)"));
-        CHANGES.put("small stamps", and(LAZY_VERSIONS, "MOST_STAMPS = 1500000000;", "MOST_STAMPS = 300;", "BUCKET_BITS = 12;", "BUCKET_BITS = 1;",
-                "stamps++;", "stamps += 7;"));
-        CHANGES.put("few images", and(LAZY, "FEW_PAGES = 64;", "FEW_PAGES = 8;", "Math.min(MAX_PAGES, 2 * mostPages)", "mostPages"));
-        CHANGES.put("short plain rows", new String[] {"MOST_PLAIN = 3;", "MOST_PLAIN = 1;", "MOST_CELLS = 2;", "MOST_CELLS = 0;", "MOST_SETTINGS = 2;", "MOST_SETTINGS = 1;"});
+        CHANGES.put("nothing is held", NEVER);
+        CHANGES.put("all is held", ALWAYS);
+        CHANGES.put("nothing is remembered", and(NEVER, FORGETFUL));
+        CHANGES.put("no values at hand", and(and(NEVER, FORGETFUL), "MOST_VALUES = 8192;", "MOST_VALUES = 2;"));
+        CHANGES.put("held and forgotten", and(ALWAYS, FORGETFUL));
+        CHANGES.put("tests in nodes", and(and(NEVER, FORGETFUL), "FEW_TESTS = 21;", "FEW_TESTS = 0;", "BITS_OF_NODE = 40;", "BITS_OF_NODE = 2;", " NODES = 16384;", " NODES = 2;", "NODES_SHIFT = 18;", "NODES_SHIFT = 31;"));
+        CHANGES.put("no tests", and(LAZY, NO_TESTS));
+        CHANGES.put("no tests, all is forgotten", and(and(NEVER, NO_TESTS), " LEAST_CACHE = 256;", " LEAST_CACHE = 4;", "MOST_CACHE = 1 << 18;", "MOST_CACHE = 4;"));
+        CHANGES.put("few tasks", and(and(LAZY, NO_TESTS), "MOST_TASKS = 400;", "MOST_TASKS = 4;"));
+        CHANGES.put("full masks", and(and(NEVER, FORGETFUL), "return Math.max(1, hash >>> 26 - 2 * level);", "return 1;"));
+        CHANGES.put("many settings", and(and(NEVER, FORGETFUL), MANY_SETTINGS));
+        CHANGES.put("many settings, walked", and(NEVER, MANY_SETTINGS));
+        CHANGES.put("many settings, little room", and(and(NEVER, MANY_SETTINGS), "return end < SPARE + SPARE_OF_INTERVAL * now;", "return end < 200;"));
+        CHANGES.put("few images", and(NEVER, "FEW_BLOCKS = 600;", "FEW_BLOCKS = 1;", "Math.min(MOST_BLOCKS, 2 * mostOfImages)", "mostOfImages"));
     }
 
     private static String[] and(String[] one, String... other) {
@@ -76,7 +77,7 @@ public final class Variants {
             System.out.println(name + " ..");
             loader.loadClass("RandomRuns").getMethod("main", String[].class).invoke(null, (Object) new String[] {objects, seed});
             // Images that are given up at once take too long for many frames of several programs.
-            String deep = name.equals("few images") ? "2" : name.equals("always collected") ? "40" : "120";
+            String deep = name.equals("few images") ? "2" : name.contains("forgotten") || name.equals("few tasks") ? "30" : "120";
             loader.loadClass("DeepRuns").getMethod("main", String[].class).invoke(null, (Object) new String[] {objects, seed, deep});
         } catch (ReflectiveOperationException e) {
             e.printStackTrace();
