@@ -724,6 +724,7 @@ public final class WindwardScheme {
         private final int[] ends; // of images; 0 if there is none
         private final Area[] images;
         private int mostOfImages; // blocks that are held if there is no need of more
+        private int drops;
         private int open; // the program whose image is made
         private int newRules; // of the macro that the newest program defines
 
@@ -931,22 +932,32 @@ public final class WindwardScheme {
         /** Lets so many blocks be free in the room; other images may be given up for them. */
         boolean makeRoom(int blocks, int kept) {
             for (int i = 0; i < MAX_PROGRAMS && room.spare() < blocks; i++) {
-                if (!isLargestDropped(kept)) {
+                if (!isLargeDropped(kept)) {
                     break;
                 }
             }
             return room.spare() >= blocks;
         }
 
-        /** Gives up the largest image but for some; whether there was one. */
-        private boolean isLargestDropped(int kept) {
-            int largest = -1;
+        /**
+         * Gives up one of the largest images; whether there was one. Which one of them changes, so that programs that are
+         * wanted in turns are not given up in just that order.
+         */
+        private boolean isLargeDropped(int kept) {
+            int largest = 0;
             for (int i = 0; i < MAX_PROGRAMS; i++) {
-                boolean isFree = i != open && i != kept && at(ends, i) > 0;
-                largest = isFree && (largest < 0 || at(ends, i) > at(ends, largest)) ? i : largest;
+                largest = i == open || i == kept ? largest : Math.max(largest, at(ends, i));
             }
-            dropImage(largest);
-            return largest >= 0;
+            int first = drops * 379;
+            int chosen = -1;
+            for (int i = 0; i < MAX_PROGRAMS && chosen < 0 && largest > 0; i++) {
+                int program = Math.floorMod(first + i, MAX_PROGRAMS);
+                boolean isFree = program != open && program != kept;
+                chosen = isFree && at(ends, program) > largest / 2 ? program : -1;
+            }
+            drops++;
+            dropImage(chosen);
+            return chosen >= 0;
         }
 
         private int blocksOfImages() {
@@ -970,7 +981,7 @@ public final class WindwardScheme {
             mostOfImages = isAgain ? Math.min(MOST_BLOCKS, 2 * mostOfImages) : mostOfImages;
             dropImage(program);
             for (int i = 0; i < MAX_PROGRAMS && blocksOfImages() > mostOfImages; i++) {
-                isLargestDropped(program);
+                isLargeDropped(program);
             }
             if (program >= 0 && program < images.length && images[program] == null) {
                 images[program] = new Area(room, MOST_OF_IMAGE);
@@ -2596,9 +2607,11 @@ public final class WindwardScheme {
         private static final int NO_TESTS = (1 << 18) - 1; // in place of their number: they are not known
         private static final int NODES = 16384;
         private static final int NODES_SHIFT = 18;
-        // Words of the log that may be taken by what can be found without them: for each interval, and besides.
-        private static final int SPARE_OF_INTERVAL = 9;
+        // Words that the log may have if something is put there that can be found without it: for each interval, and besides.
+        private static final int SPARE_OF_INTERVAL = 8;
         private static final int SPARE = 300000;
+        private static final int MOST_OF_INTERVAL = 11;
+        private static final int MOST_BESIDES = 500000;
 
         private final Area table;
         final Area log;
@@ -2654,6 +2667,11 @@ public final class WindwardScheme {
         /** Whether there is room for what need not be held. */
         boolean isRoomy() {
             return end < SPARE + SPARE_OF_INTERVAL * now;
+        }
+
+        /** Whether there is room for what is held now and then. */
+        boolean isRoomyNowAndThen() {
+            return end < MOST_BESIDES + MOST_OF_INTERVAL * now;
         }
 
         // ---- the log
@@ -2852,7 +2870,11 @@ public final class WindwardScheme {
             }
             long noted = isAtHand || segment != END ? 0 : table.get(interval * WORDS + 2) >>> TESTS_SHIFT;
             if (noted != 0) {
-                return 63 - Long.numberOfLeadingZeros(noted);
+                int count = 0;
+                for (int i = 1; i <= FEW_TESTS && noted >>> i != 0; i++) {
+                    count++;
+                }
+                return count;
             }
             int extra = extraOf(interval, testsOf(segment));
             int count = extra == 0 ? NO_TESTS : infoOf(extra) & NO_TESTS;
@@ -4195,7 +4217,7 @@ public final class WindwardScheme {
         private void lookThrough(int interval, int next) {
             int scanned = next == FROM_END ? History.END : next == FROM_START ? History.START : History.PASSED;
             boolean isStopped = (history.flagsOf(interval) & History.STOPPED) != 0;
-            boolean isWhole = noted(LIMIT) == 0;
+            boolean isWhole = noted(LIMIT) == 0 && (interval != history.now || !history.isOpen);
             if (isWhole && settings.isWalked(keyOfWalk(interval, scanned))) {
                 long where = settings.walked(noted(TARGET), noted(TARGET_PLACE));
                 int segment = scanned == History.PASSED ? (int) (where >>> OFFSET_BITS) + 1 : scanned;
@@ -4205,7 +4227,7 @@ public final class WindwardScheme {
                 }
                 return;
             }
-            if (scanned == History.END && isWhole && isStopped) {
+            if (scanned == History.END && noted(LIMIT) == 0 && isStopped) {
                 note(LIMIT, history.placeOf(interval));
             }
             note(WALKED, isWhole && !isStopped ? 1 : 0);
@@ -5302,7 +5324,7 @@ public final class WindwardScheme {
 
         /** Whether so many values are held now, where some are, now and then. */
         private boolean isHeldNow(int count) {
-            return history.isRoomy() && (history.now * 0x9E3779B1 >>> 1) % (LEAST_PARTS + count / 2) == 0;
+            return history.isRoomyNowAndThen() && (history.now * 0x9E3779B1 >>> 1) % (LEAST_PARTS + count / 2) == 0;
         }
 
         // ---- what waits
@@ -5394,8 +5416,11 @@ public final class WindwardScheme {
                 }
                 putWord(arguments, found - 1, argument);
             }
-            if (argumentCount() == needed && !isAnswerReady(symbol)) {
-                return false;
+            if (found == needed + 1 && argumentCount() == needed) {
+                if (!isAnswerReady(symbol)) {
+                    return false;
+                }
+                found++;
             }
             return areSettingsReady();
         }

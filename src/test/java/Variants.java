@@ -18,7 +18,7 @@ import java.util.spi.ToolProvider;
  */
 public final class Variants {
     private static final String[] LAZY = {"FEW_ARGUMENTS = 2;", "FEW_ARGUMENTS = 0;", "FEW_SETTINGS = 2;", "FEW_SETTINGS = 0;"};
-    private static final String[] NEVER = and(LAZY, "return history.isRoomy() && (history.now", "return history.now < 0 && (history.now");
+    private static final String[] NEVER = and(LAZY, "return history.isRoomyNowAndThen() && (history.now", "return history.now < 0 && (history.now");
     private static final String[] ALWAYS = {"% (LEAST_PARTS + count / 2) == 0", "% (LEAST_PARTS + count / 2) >= 0"};
     private static final String[] FORGETFUL = {" LEAST_CACHE = 256;", " LEAST_CACHE = 4;", "MOST_CACHE = 1 << 18;", "MOST_CACHE = 4;",
         " LEAST_TABLE = 256;", " LEAST_TABLE = 4;", "MOST_KNOWN = 1 << 16;", "MOST_KNOWN = 4;", "MOST_PASSES = 1 << 14;", "MOST_PASSES = 4;",
@@ -41,6 +41,7 @@ public final class Variants {
         CHANGES.put("full masks", and(and(NEVER, FORGETFUL), "return Math.max(1, hash >>> 26 - 2 * level);", "return 1;"));
         CHANGES.put("many settings", and(and(NEVER, FORGETFUL), MANY_SETTINGS));
         CHANGES.put("many settings, walked", and(NEVER, MANY_SETTINGS));
+        CHANGES.put("many settings, walked and forgotten", and(and(NEVER, MANY_SETTINGS), " LEAST_CACHE = 256;", " LEAST_CACHE = 4;", "MOST_CACHE = 1 << 18;", "MOST_CACHE = 4;"));
         CHANGES.put("many settings, little room", and(and(NEVER, MANY_SETTINGS), "return end < SPARE + SPARE_OF_INTERVAL * now;", "return end < 200;"));
         CHANGES.put("few images", and(NEVER, "FEW_BLOCKS = 600;", "FEW_BLOCKS = 1;", "Math.min(MOST_BLOCKS, 2 * mostOfImages)", "mostOfImages"));
     }
