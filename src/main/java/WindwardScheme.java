@@ -99,18 +99,18 @@ public final class WindwardScheme {
     private static final int BLOCK_BITS = 9;
     private static final int BLOCK_WORDS = 512;
     private static final int BLOCK_MASK = BLOCK_WORDS - 1;
-    private static final int MOST_BLOCKS = 12400;
-    private static final int MOST_OF_HISTORY = 9800; // the others are enough for the largest expansion
+    private static final int MOST_BLOCKS = 12000;
+    private static final int MOST_OF_HISTORY = 8800; // the others are enough for the largest expansion
     private static final int BLOCKS_OF_FORM = 200; // that a form and its expansion take at most
 
     // How many bits name an interval, a place in an image, a place in the log or what waits, and a program.
-    private static final int INTERVAL_BITS = 18;
-    private static final int INTERVAL_MASK = (1 << 18) - 1;
-    private static final int OFFSET_BITS = 20;
-    private static final int OFFSET_MASK = (1 << 20) - 1;
+    private static final int INTERVAL_BITS = 19;
+    private static final int INTERVAL_MASK = (1 << 19) - 1;
+    private static final int OFFSET_BITS = 21;
+    private static final int OFFSET_MASK = (1 << 21) - 1;
     private static final int LINK_BITS = 24;
     private static final int LINK_MASK = (1 << 24) - 1;
-    private static final int MAX_PROGRAMS = 1000;
+    private static final int MAX_PROGRAMS = 512; // no more can be begun by the calls of an object
 
     // Other things than bodies that wait are in the log: kind, what waits behind, subject; and another word.
     private static final int HANDLER_FRAME = 1; // handlers to come back to
@@ -130,8 +130,7 @@ public final class WindwardScheme {
     private static final int LEVELS = 128;
 
     private final Store store;
-    private final Writer writer;
-    private final Reader reader;
+    private final Text text;
     private final Expander expander;
     private final Machine machine;
 
@@ -140,12 +139,11 @@ public final class WindwardScheme {
         Store laid = new Store(room);
         History history = new History(room);
         Settings settings = new Settings(room, history);
-        Finder finder = new Finder(laid, history, settings);
+        Finder finder = new Finder(room, laid, history, settings);
         store = laid;
-        writer = new Writer(laid, finder);
-        reader = new Reader();
+        text = new Text(laid, finder);
         expander = new Expander(room, laid);
-        machine = new Machine(laid, history, settings, finder);
+        machine = new Machine(room, laid, history, settings, finder);
     }
 
     // ---- data
@@ -155,25 +153,30 @@ public final class WindwardScheme {
         if (value == 0) {
             throw new IllegalArgumentException("the denominator is 0, or the number is out of range");
         }
+        countCall();
         return needLaid(store.lay(value));
     }
 
     public int symbol(int symbol) throws IllegalArgumentException, IllegalStateException {
         needSymbol(symbol);
+        countCall();
         return needLaid(store.lay(symbolValue(symbol)));
     }
 
     public int truth(boolean isTrue) throws IllegalStateException {
+        countCall();
         return needLaid(store.lay(isTrue ? TRUE : FALSE));
     }
 
     public int empty() throws IllegalStateException {
+        countCall();
         return needLaid(store.lay(EMPTY));
     }
 
     public int pair(int first, int rest) throws IndexOutOfBoundsException, IllegalStateException {
         needDatum(first);
         needDatum(rest);
+        countCall();
         return needLaid(store.layPair(first, rest));
     }
 
@@ -224,9 +227,9 @@ public final class WindwardScheme {
 
     public int write(int datum) throws IndexOutOfBoundsException, UnsupportedOperationException {
         needDatum(datum);
-        writer.start(false, store.valueOf(datum));
-        writer.goOn();
-        return needWritten(writer.finish());
+        text.start(false, store.valueOf(datum));
+        text.goOn();
+        return needWritten(text.finish());
     }
 
     public int writeExpanded(int datum)
@@ -236,46 +239,48 @@ public final class WindwardScheme {
         if (!expander.expand(0, false)) {
             throw new IllegalArgumentException("the program is wrong");
         }
-        writer.start(true, store.word(0, store.rootOf(0) + BODY_PLACE));
-        writer.goOn();
-        return needWritten(writer.finish());
+        text.start(true, store.word(0, store.rootOf(0) + BODY_PLACE));
+        text.goOn();
+        return needWritten(text.finish());
     }
 
     public char charAt(int index) throws IndexOutOfBoundsException {
-        if (index < 0 || index >= writer.length) {
+        if (index < 0 || index >= text.length) {
             throw new IndexOutOfBoundsException("no such place in the text");
         }
-        return writer.signAt(index);
+        return text.signAt(index);
     }
 
     public int type(char character) throws IllegalArgumentException, IllegalStateException {
         if (character < 32 || character > 126) {
             throw new IllegalArgumentException("the character is out of range");
         }
-        if (writer.length >= MAX_TEXT) {
+        if (text.length >= MAX_TEXT) {
             throw new IllegalStateException("the text is full");
         }
-        return writer.append(character);
+        countCall();
+        return text.append(character);
     }
 
     public int clear() {
-        return writer.forget();
+        return text.forget();
     }
 
     public int read() throws IllegalArgumentException, IllegalStateException {
-        if (!reader.takes(writer)) {
+        if (!text.isDatum()) {
             throw new IllegalArgumentException("the text is no datum");
         }
-        if (reader.needed > MAX_DATA - store.count) {
+        if (text.needed > MAX_DATA - store.count) {
             throw new IllegalStateException("there would be too many data");
         }
-        return needLaid(reader.layAll(store));
+        return needLaid(text.layAll());
     }
 
     // ---- running
 
     public char begin(int datum) throws IndexOutOfBoundsException {
         needDatum(datum);
+        countCall();
         machine.stop();
         int program = store.newProgram(datum);
         boolean isRight = program != 0 && expander.expand(program, true);
@@ -288,6 +293,7 @@ public final class WindwardScheme {
         if (fuel < 1 || fuel > MAX_FUEL) {
             throw new IllegalArgumentException("the number of applications is out of range");
         }
+        countCall();
         machine.refuel(fuel);
         int wanted = machine.goOn();
         for (int i = 0; i < MAX_STEPS && wanted != 0; i++) {
@@ -317,13 +323,13 @@ public final class WindwardScheme {
 
     public int writeValue() throws IllegalStateException, NoSuchElementException, UnsupportedOperationException {
         needValue();
-        writer.start(false, machine.result());
-        int wanted = writer.goOn();
+        text.start(false, machine.result());
+        int wanted = text.goOn();
         for (int i = 0; i < MAX_STEPS && wanted != 0; i++) {
-            writer.takeProgram(expander.expand(wanted, false));
-            wanted = writer.goOn();
+            text.takeProgram(expander.expand(wanted, false));
+            wanted = text.goOn();
         }
-        return needWritten(writer.finish());
+        return needWritten(text.finish());
     }
 
     public char error() throws IllegalStateException, NoSuchElementException {
@@ -351,13 +357,13 @@ public final class WindwardScheme {
         if (global == 0) {
             throw new NoSuchElementException("no global variable with a value");
         }
-        writer.start(false, global);
-        int wanted = writer.goOn();
+        text.start(false, global);
+        int wanted = text.goOn();
         for (int i = 0; i < MAX_STEPS && wanted != 0; i++) {
-            writer.takeProgram(expander.expand(wanted, false));
-            wanted = writer.goOn();
+            text.takeProgram(expander.expand(wanted, false));
+            wanted = text.goOn();
         }
-        return needWritten(writer.finish());
+        return needWritten(text.finish());
     }
 
     public char meaning(int symbol) throws IllegalArgumentException {
@@ -412,6 +418,11 @@ public final class WindwardScheme {
     }
 
     // ---- what the calls need
+
+    /** Counts a call: the fewer are left, the less room the applications need that may still come. */
+    private void countCall() {
+        machine.count(Machine.CALLS_OF_OBJECT, 1);
+    }
 
     private void needDatum(int datum) {
         if (!store.has(datum)) {
@@ -702,6 +713,8 @@ public final class WindwardScheme {
         private static final int MAX_CHANGES = 100000;
         private static final int MOST_OF_IMAGE = 4096; // blocks
         private static final int FEW_BLOCKS = 600;
+        private static final int MOST_AT_HAND = 310000; // words
+        private static final int FEW_AT_HAND = 24; // blocks
         private static final int DEPTH_SHIFT = 12;
         private static final int SIZE_MASK = 4095;
         private static final int MEASURE_OF_ONE = 1 << DEPTH_SHIFT | 1;
@@ -854,12 +867,18 @@ public final class WindwardScheme {
                 changes.put(changeCount, symbol | newMeaning << 8 | (long) (newMeaning == MACRO ? newRules : 0) << 16);
                 changeCount += changeCount < MAX_CHANGES ? 1 : 0;
             }
+            newRules = newMeaning == MACRO ? 0 : newRules;
             put(meanings, symbol, newMeaning);
             putWord(contents, symbol, newMeaning == VARIABLE ? content : 0);
         }
 
         void setNewRules(int rules) {
             newRules = rules;
+        }
+
+        /** Whether there are rules of a program that did not come to define its macro. */
+        boolean hasNewRules() {
+            return newRules != 0;
         }
 
         /** Lets rows be what symbols meant when a program began, and the rules of macros then. */
@@ -929,21 +948,28 @@ public final class WindwardScheme {
             }
         }
 
+        /** How many blocks there must be besides the image of a program for what is at hand when it is evaluated. */
+        int blocksBeside(int program) {
+            return Math.min(at(ends, program), MOST_AT_HAND) / BLOCK_WORDS + FEW_AT_HAND;
+        }
+
         /** Lets so many blocks be free in the room; other images may be given up for them. */
         boolean makeRoom(int blocks, int kept) {
             for (int i = 0; i < MAX_PROGRAMS && room.spare() < blocks; i++) {
-                if (!isLargeDropped(kept)) {
+                int large = largeImage(kept);
+                if (large < 0) {
                     break;
                 }
+                dropImage(large);
             }
             return room.spare() >= blocks;
         }
 
         /**
-         * Gives up one of the largest images; whether there was one. Which one of them changes, so that programs that are
-         * wanted in turns are not given up in just that order.
+         * A program of which the image is one of the largest; -1 if there is none that may be given up. Which one of them it is
+         * changes, so that programs that are wanted in turns are not given up in just that order.
          */
-        private boolean isLargeDropped(int kept) {
+        private int largeImage(int kept) {
             int largest = 0;
             for (int i = 0; i < MAX_PROGRAMS; i++) {
                 largest = i == open || i == kept ? largest : Math.max(largest, at(ends, i));
@@ -956,8 +982,7 @@ public final class WindwardScheme {
                 chosen = isFree && at(ends, program) > largest / 2 ? program : -1;
             }
             drops++;
-            dropImage(chosen);
-            return chosen >= 0;
+            return chosen;
         }
 
         private int blocksOfImages() {
@@ -981,7 +1006,7 @@ public final class WindwardScheme {
             mostOfImages = isAgain ? Math.min(MOST_BLOCKS, 2 * mostOfImages) : mostOfImages;
             dropImage(program);
             for (int i = 0; i < MAX_PROGRAMS && blocksOfImages() > mostOfImages; i++) {
-                isLargeDropped(program);
+                dropImage(largeImage(program));
             }
             if (program >= 0 && program < images.length && images[program] == null) {
                 images[program] = new Area(room, MOST_OF_IMAGE);
@@ -1031,8 +1056,11 @@ public final class WindwardScheme {
         }
     }
 
-    /** The text, and data and expanded programs written into it; what would be too long leaves it as it was. */
-    private static final class Writer {
+    /**
+     * The text. Data and expanded programs are written into it; what would be too long leaves it as it was. And it is taken
+     * apart to be read: whether it is one datum, and then that is laid.
+     */
+    private static final class Text {
         // What is still to be written: a datum, what follows behind a part of a list, a form, the forms from a place in
         // some parts on, ")", and nothing, but behind the body of a lambda its variables are no longer bound.
         private static final int DATUM = 0;
@@ -1042,6 +1070,7 @@ public final class WindwardScheme {
         private static final int CLOSE = 4;
         private static final int UNBIND = 5;
         private static final int MAX_JOBS = 2048;
+        private static final int MAX_DIGITS = 18;
 
         private final Store store;
         private final Finder finder;
@@ -1055,8 +1084,18 @@ public final class WindwardScheme {
         private final int[] binders; // the number of the first variable of each lambda around
         private int bindersAround;
         private int variables;
+        // The pieces that it was taken apart to: '(', ')', '.', 'n' a number, 's' a symbol, 't' a truth; and their values.
+        private final char[] pieces;
+        private final long[] values;
+        private int pieceCount;
+        int needed; // data that it would lay
+        // The lists that are open: how far each one is, the depth of its parts, where its parts begin.
+        private final int[] stages;
+        private final int[] depths;
+        private final int[] parts;
+        private int open;
 
-        Writer(Store store, Finder finder) {
+        Text(Store store, Finder finder) {
             this.store = store;
             this.finder = finder;
             text = new char[MAX_TEXT];
@@ -1064,6 +1103,11 @@ public final class WindwardScheme {
             jobs = new int[MAX_JOBS];
             subjects = new long[MAX_JOBS];
             binders = new int[LEVELS];
+            pieces = new char[MAX_TEXT];
+            values = new long[MAX_TEXT];
+            stages = new int[MAX_TEXT + 1];
+            depths = new int[MAX_TEXT + 1];
+            parts = new int[MAX_TEXT + 1];
         }
 
         char signAt(int index) {
@@ -1363,49 +1407,25 @@ public final class WindwardScheme {
             }
             put(')');
         }
-    }
 
-    /** Takes the text apart, looks whether it is one datum, and lays it. */
-    private static final class Reader {
-        private static final int MAX_DIGITS = 18;
-
-        // The pieces: '(', ')', '.', 'n' a number, 's' a symbol, 't' a truth.
-        private final char[] pieces;
-        private final long[] tops;
-        private final long[] bottoms;
-        private int pieceCount;
-        int needed;
-        // The lists that are open: how far each one is, the depth of its parts, where its parts begin.
-        private final int[] stages;
-        private final int[] depths;
-        private final int[] parts;
-        private int open;
-
-        Reader() {
-            pieces = new char[MAX_TEXT];
-            tops = new long[MAX_TEXT];
-            bottoms = new long[MAX_TEXT];
-            stages = new int[MAX_TEXT + 1];
-            depths = new int[MAX_TEXT + 1];
-            parts = new int[MAX_TEXT + 1];
-        }
+        // ---- reading
 
         /** Whether the text is one datum that is not too deep; then needed is how many data it would lay. */
-        boolean takes(Writer text) {
-            return isSplit(text) && isOneDatum();
+        boolean isDatum() {
+            return isSplit() && isOneDatum();
         }
 
-        private boolean isSplit(Writer text) {
+        private boolean isSplit() {
             pieceCount = 0;
             int index = 0;
-            for (int i = 0; i < MAX_TEXT && index < text.length; i++) {
-                char sign = text.signAt(index);
+            for (int i = 0; i < MAX_TEXT && index < length; i++) {
+                char sign = signAt(index);
                 int end = index + 1;
                 if (sign == '(' || sign == ')') {
-                    addPiece(sign, 0, 1);
+                    addPiece(sign, 0);
                 } else if (sign != ' ') {
-                    end = endOfPiece(text, index);
-                    if (!isPiece(text, index, end)) {
+                    end = endOfPiece(index);
+                    if (!isPiece(index, end)) {
                         return false;
                     }
                 }
@@ -1414,69 +1434,69 @@ public final class WindwardScheme {
             return true;
         }
 
-        private static int endOfPiece(Writer text, int start) {
-            for (int i = start; i < text.length; i++) {
-                char sign = text.signAt(i);
+        private int endOfPiece(int start) {
+            for (int i = start; i < length; i++) {
+                char sign = signAt(i);
                 if (sign == ' ' || sign == '(' || sign == ')') {
                     return i;
                 }
             }
-            return text.length;
+            return length;
         }
 
-        private void addPiece(char piece, long top, long bottom) {
+        private void addPiece(char piece, long value) {
             if (pieceCount >= 0 && pieceCount < MAX_TEXT) {
                 pieces[pieceCount] = piece;
-                tops[pieceCount] = top;
-                bottoms[pieceCount] = bottom;
+                values[pieceCount] = value;
                 pieceCount++;
             }
         }
 
-        private boolean isPiece(Writer text, int start, int end) {
-            char sign = text.signAt(start);
+        private boolean isPiece(int start, int end) {
+            char sign = signAt(start);
             if (sign == '.') {
-                addPiece('.', 0, 1);
+                addPiece('.', 0);
                 return end == start + 1;
             }
             if (sign == '#') {
-                char letter = end == start + 2 ? text.signAt(start + 1) : ' ';
-                addPiece('t', letter == 't' ? 1 : 0, 1);
+                char letter = end == start + 2 ? signAt(start + 1) : ' ';
+                addPiece('t', letter == 't' ? TRUE : FALSE);
                 return letter == 't' || letter == 'f';
             }
             if (sign == 's') {
-                long symbol = digits(text, start + 1, end);
-                addPiece('s', symbol, 1);
+                long symbol = digits(start + 1, end);
+                addPiece('s', symbolValue((int) symbol));
                 return symbol >= 0 && symbol < SYMBOLS;
             }
-            return isNumber(text, start, end);
+            return isNumber(start, end);
         }
 
-        private boolean isNumber(Writer text, int start, int end) {
-            boolean isNegative = text.signAt(start) == '-';
+        private boolean isNumber(int start, int end) {
+            boolean isNegative = signAt(start) == '-';
             int slash = end;
             for (int i = end - 1; i >= start; i--) {
-                if (text.signAt(i) == '/') {
+                if (signAt(i) == '/') {
                     slash = i;
                 }
             }
-            long top = digits(text, isNegative ? start + 1 : start, slash);
-            long bottom = slash == end ? 1 : digits(text, slash + 1, end);
+            long top = digits(isNegative ? start + 1 : start, slash);
+            long bottom = slash == end ? 1 : digits(slash + 1, end);
             if (top < 0 || bottom < 0) {
                 return false;
             }
-            addPiece('n', isNegative ? -top : top, bottom);
-            return fraction(top, bottom) != 0;
+            long value = fraction(isNegative ? -top : top, bottom);
+            addPiece('n', value);
+            return value != 0;
         }
 
         /** The number that 1 to 18 digits are; -1 if they are none. */
-        private static long digits(Writer text, int start, int end) {
+        private long digits(int start, int end) {
             if (end <= start || end - start > MAX_DIGITS) {
                 return -1;
             }
             long number = 0;
             for (int i = start; i < end; i++) {
-                char sign = text.signAt(i);
+                char sign = signAt(i);
                 if (sign < '0' || sign > '9') {
                     return -1;
                 }
@@ -1490,14 +1510,14 @@ public final class WindwardScheme {
         private boolean isOneDatum() {
             open = 0;
             needed = 0;
-            put(stages, 0, 2);
+            WindwardScheme.put(stages, 0, 2);
             for (int i = 0; i < pieceCount && i < MAX_TEXT; i++) {
                 boolean isRight;
                 switch (pieces[i]) {
                     case '(':
                         open++;
-                        put(stages, open, 0);
-                        put(depths, open, 1);
+                        WindwardScheme.put(stages, open, 0);
+                        WindwardScheme.put(depths, open, 1);
                         isRight = true;
                         break;
                     case ')':
@@ -1505,7 +1525,7 @@ public final class WindwardScheme {
                         break;
                     case '.':
                         isRight = at(stages, open) == 1;
-                        put(stages, open, 2);
+                        WindwardScheme.put(stages, open, 2);
                         break;
                     default:
                         needed++;
@@ -1521,8 +1541,8 @@ public final class WindwardScheme {
         private boolean takesPart(int depth) {
             int stage = at(stages, open);
             boolean isEnd = stage == 2;
-            put(stages, open, isEnd ? 3 : 1);
-            put(depths, open, Math.max(at(depths, open), isEnd ? depth : depth + 1));
+            WindwardScheme.put(stages, open, isEnd ? 3 : 1);
+            WindwardScheme.put(depths, open, Math.max(at(depths, open), isEnd ? depth : depth + 1));
             if (!isEnd) {
                 needed++;
             }
@@ -1543,34 +1563,34 @@ public final class WindwardScheme {
         }
 
         /** Lays the datum that was looked at; its number, or -1 if there is no room. */
-        int layAll(Store store) {
+        int layAll() {
             open = 0;
             int top = 0;
             for (int i = 0; i < pieceCount && i < MAX_TEXT; i++) {
                 switch (pieces[i]) {
                     case '(':
                         open++;
-                        put(stages, open, 0);
-                        put(depths, open, top);
+                        WindwardScheme.put(stages, open, 0);
+                        WindwardScheme.put(depths, open, top);
                         break;
                     case ')':
                         int start = at(depths, open);
-                        put(parts, start, layList(store, start, top));
+                        WindwardScheme.put(parts, start, layList(start, top));
                         top = start + 1;
                         open--;
                         break;
                     case '.':
-                        put(stages, open, 2);
+                        WindwardScheme.put(stages, open, 2);
                         break;
                     default:
-                        put(parts, top, layPiece(store, i));
+                        WindwardScheme.put(parts, top, store.lay(values[i]));
                         top++;
                 }
             }
             return at(parts, 0);
         }
 
-        private int layList(Store store, int start, int top) {
+        private int layList(int start, int top) {
             boolean isDotted = at(stages, open) == 2;
             int last = isDotted ? top - 1 : top;
             int list = isDotted ? at(parts, last) : store.lay(EMPTY);
@@ -1578,21 +1598,6 @@ public final class WindwardScheme {
                 list = store.layPair(at(parts, i), list);
             }
             return list;
-        }
-
-        private int layPiece(Store store, int index) {
-            if (index < 0 || index >= MAX_TEXT) {
-                return -1;
-            }
-            long top = tops[index];
-            switch (pieces[index]) {
-                case 's':
-                    return store.lay(symbolValue((int) top));
-                case 't':
-                    return store.lay(top == 1 ? TRUE : FALSE);
-                default:
-                    return store.lay(fraction(top, bottoms[index]));
-            }
         }
     }
 
@@ -1629,6 +1634,7 @@ public final class WindwardScheme {
         private final Store store;
         private final Area kept;
         private int keptCount;
+        private int keptBefore; // the newest definition
         private final Area scratch;
         private int scratchCount;
         private final Area scopes;
@@ -1798,6 +1804,7 @@ public final class WindwardScheme {
             if (level == 0) {
                 kept.reach(keptCount + MOST_PARTS);
                 parts.reach(MOST_PARTS);
+                keptBefore = keptCount;
             }
             int bottom = built;
             int cell = term;
@@ -1811,6 +1818,11 @@ public final class WindwardScheme {
             }
             built = bottom;
             return copy;
+        }
+
+        /** Gives up the newest definition that was kept. */
+        void forgetKept() {
+            keptCount = keptBefore == 0 ? keptCount : keptBefore;
         }
 
         private int keptName(int name) {
@@ -2226,6 +2238,10 @@ public final class WindwardScheme {
 
         /** Makes the image of a program; whether it is right. Then used tells how many expansions of macros there were. */
         boolean expand(int program, boolean isBegun) {
+            if (isBegun && store.hasNewRules()) {
+                store.setNewRules(0);
+                macros.forgetKept();
+            }
             store.recallMeanings(program, meanings, rules);
             store.openImage(program);
             used = 0;
@@ -2524,7 +2540,7 @@ public final class WindwardScheme {
                 plain = macros.symbolOf(cell) << Store.DATUM_BITS | Store.SYMBOL_DATUM;
                 isMarked = true;
             } else if (macros.noteOf(cell) != 0) {
-                plain = (macros.noteOf(cell) & OFFSET_MASK) << Store.DATUM_BITS | Store.PAIR_DATUM;
+                plain = (macros.noteOf(cell) & MARKED - 1) << Store.DATUM_BITS + 1 | Store.PAIR_DATUM;
                 isMarked = (macros.noteOf(cell) & MARKED) != 0;
             }
             for (int i = slotCount - 1; i >= bottom && depth <= MAX_LEVEL; i--) {
@@ -2532,10 +2548,13 @@ public final class WindwardScheme {
                 boolean isRestMarked = isMarked;
                 int first = plainOf(macros.first(old), depth + 1);
                 isMarked = isMarked || isRestMarked;
+                if ((store.nextOffset() & 1) != 0) {
+                    store.emit(0);
+                }
                 int place = store.emit(first);
                 store.emit(plain);
                 plain = place << Store.DATUM_BITS | Store.PAIR_DATUM;
-                macros.setNote(old, place | (isMarked ? MARKED : 0));
+                macros.setNote(old, place >> 1 | (isMarked ? MARKED : 0));
                 if (isMarked) {
                     addAnew(old);
                 }
@@ -2558,13 +2577,16 @@ public final class WindwardScheme {
      * held, but what they can be found by. An interval begins where a body begins (it is the activation of that body then,
      * and the environment of its variables), or where a value is given to what waits; it goes on through the rest of that
      * body, then perhaps through what waited behind it, body by body, up to the next application. So its segments are the
-     * START, the ones PASSED through, and the END, which may be the only one. What was evaluated in a segment is told by
-     * the code, what its tests came to, and the variables as they were then. What waits is named by the interval in the END
-     * of which it began to wait; other things that wait are in the log, and named by their place and SPECIAL.
+     * START, the ones PASSED through, and the END, which may be the only one. If variables were set in a body, what waited
+     * behind it begins with an interval of its own, as long as there are enough numbers for them. What was evaluated in a
+     * segment is told by the code, what its tests came to, and the variables as they were then. What waits is named by the
+     * interval in the END of which it began to wait; other things that wait are in the log, and named by their place and
+     * SPECIAL.
      *
      * <p>An interval takes some words of a table: kind, code and what is behind its body; environment around, place where it
      * ended, what waited for the value that its END went on with, flags; activation of its END, extras, a few tests; that
-     * value; and a mask of the variables that were set in it. Extras are in the log, where they are wanted.
+     * value; a mask of the variables that were set in it, and in which interval one of its own was set at last. Extras are in
+     * the log, where they are wanted.
      */
     private static final class History {
         static final int END = 0;
@@ -2572,51 +2594,55 @@ public final class WindwardScheme {
         static final int PASSED = 2;
         static final int SPECIAL = 1 << INTERVAL_BITS;
         static final int MOST_INTERVALS = (1 << INTERVAL_BITS) - 2;
-        static final int UNKNOWN_TEST = -1;
         private static final int WORDS = 5;
         private static final int CODE_SHIFT = 4;
         private static final int BEHIND_SHIFT = 34;
         private static final int SETS_PLACE = 58; // which of its variables are set somewhere
         private static final int BEGUN = 1;
         private static final int HAS_VARIABLES = 2;
-        private static final int PLACE_SHIFT = 18;
-        private static final int WAITED_SHIFT = 38;
-        private static final int FLAG_SHIFT = 56;
+        private static final int PLACE_SHIFT = 19;
+        private static final int WAITED_SHIFT = 40;
+        private static final int FLAG_SHIFT = 59;
         static final int START_SET = 1; // variables were set in the START, in others that were passed, in the END
         static final int PASSED_SET = 2;
         static final int END_SET = 4;
         static final int STOPPED = 8; // the interval ended with an error ahead of what is at its place
         static final int DROPPING = 16; // the value that is waited for at its end is dropped
-        private static final int EXTRA_SHIFT = 18;
-        private static final int TESTS_SHIFT = 42;
-        private static final int FEW_TESTS = 21;
+        private static final int EXTRA_SHIFT = 19;
+        private static final int TESTS_SHIFT = 43;
+        private static final int FEW_TESTS = 20;
+        private static final int MASK_BITS = 45;
         // Extras: their type, the next one, a number; and words behind that.
         static final int LIST_EXTRA = 1; // arguments: how many, the list of them
         static final int ONE_EXTRA = 2; // the only argument
         static final int COUNT_EXTRA = 3; // how many arguments there are
         static final int ARGUMENTS_EXTRA = 4; // how many arguments there are, all of them
-        static final int SETTINGS_EXTRA = 5; // how many variables were set; each with its value, all of them
-        static final int FILTER_EXTRA = 9; // where the filter is of the variables that were set
         private static final int START_EXTRA = 6; // tests of the START
         private static final int PASSED_EXTRA = 7; // tests of those passed from the first with settings; that one, its value
         private static final int END_EXTRA = 8; // tests of the END
         private static final int TYPE_BITS = 4;
         private static final int INFO_SHIFT = 28;
-        private static final int BITS_OF_NODE = 40;
+        // Tests are a row of bits, in a word with a 1 behind them if they are not many, else in some words of the log.
+        private static final int TESTS_OF_WORD = 48;
         private static final int MOST_TESTS = 1 << 17;
         private static final int NO_TESTS = (1 << 18) - 1; // in place of their number: they are not known
-        private static final int NODES = 16384;
-        private static final int NODES_SHIFT = 18;
-        // Words that the log may have if something is put there that can be found without it: for each interval, and besides.
-        private static final int SPARE_OF_INTERVAL = 8;
-        private static final int SPARE = 300000;
-        private static final int MOST_OF_INTERVAL = 11;
-        private static final int MOST_BESIDES = 500000;
+        private static final long OF_ROW = 1L << 50; // in the key of tests: they are a row in the log
+        private static final int ROWS = 4096;
+        private static final int ROWS_SHIFT = 20;
+        private static final int BASES = 64;
+        private static final int BASE_SHIFT = 18;
+        private static final int CHANGED_SHIFT = 42;
+        // Words of the room that are left for each application that may still come: of what there must be for it, of what
+        // there may be besides.
+        private static final int WORDS_OF_APPLICATION = 16;
+        private static final int MORE_OF_APPLICATION = 4;
+        private static final int SPARE_INTERVALS = 64;
 
         private final Area table;
         final Area log;
         private int end; // of the log
-        private final int[] nodes; // of tests: where one with such bits is
+        private final int[] rows; // of tests: where one with such bits is; where one of such a length is that others differ from
+        private int left; // applications that may still come
         // The interval at hand.
         int now;
         boolean isOpen;
@@ -2627,31 +2653,29 @@ public final class WindwardScheme {
         private int extras;
         private final Area tests; // of the segment at hand
         private int testCount;
-        private long few; // tests behind a 1, if they are few; otherwise 0
         private final Area passedTests;
         private int passedCount;
         private int firstPassed;
         private long firstGift;
-        private final Area loaded; // tests that were looked at last
-        private long loadedKey;
+        private int passedBodies;
+        private long[] loaded; // tests that are looked at
 
         History(Area room) {
             table = new Area(room, MOST_BLOCKS);
             log = new Area(room, MOST_BLOCKS);
             tests = new Area(room, MOST_BLOCKS);
             passedTests = new Area(room, MOST_BLOCKS);
-            loaded = new Area(room, MOST_BLOCKS);
-            nodes = new int[NODES];
+            loaded = new long[1];
+            rows = new int[ROWS + BASES];
             end = 1;
         }
 
         // ---- room
 
-        /** How many blocks are missing for so many words of the log, and the next interval. */
+        /** How many blocks are missing for so many words of the log, and the next intervals. */
         int blocksFor(int words) {
-            int most = words + (testCount + passedCount) / BITS_OF_NODE;
-            int ofLog = end + most - log.words() + BLOCK_MASK >> BLOCK_BITS;
-            int ofTable = (now + 2) * WORDS - table.words() + BLOCK_MASK >> BLOCK_BITS;
+            int ofLog = end + words - log.words() + BLOCK_MASK >> BLOCK_BITS;
+            int ofTable = (now + 3) * WORDS - table.words() + BLOCK_MASK >> BLOCK_BITS;
             return Math.max(0, ofLog) + Math.max(0, ofTable);
         }
 
@@ -2660,18 +2684,28 @@ public final class WindwardScheme {
         }
 
         void take(int words) {
-            log.reach(end + words + (testCount + passedCount) / BITS_OF_NODE);
-            table.reach((now + 2) * WORDS);
+            log.reach(end + words);
+            table.reach((now + 3) * WORDS);
+        }
+
+        /** Tells how many applications may still come. */
+        void setLeft(int applications) {
+            left = applications;
         }
 
         /** Whether there is room for what need not be held. */
         boolean isRoomy() {
-            return end < SPARE + SPARE_OF_INTERVAL * now;
+            return end + (now + 2) * (WORDS + 1) + left * WORDS_OF_APPLICATION < MOST_OF_HISTORY * BLOCK_WORDS;
         }
 
-        /** Whether there is room for what is held now and then. */
-        boolean isRoomyNowAndThen() {
-            return end < MOST_BESIDES + MOST_OF_INTERVAL * now;
+        private boolean isRoomyForTests() {
+            int needed = left * (WORDS_OF_APPLICATION + MORE_OF_APPLICATION);
+            return end + (now + 2) * (WORDS + 1) + needed < MOST_OF_HISTORY * BLOCK_WORDS;
+        }
+
+        /** Whether there may be another interval besides those of the applications. */
+        boolean hasSpareInterval() {
+            return now + left + SPARE_INTERVALS < MOST_INTERVALS && isRoomy();
         }
 
         // ---- the log
@@ -2719,9 +2753,9 @@ public final class WindwardScheme {
             flags = 0;
             extras = 0;
             testCount = 0;
-            few = 1;
             firstPassed = 0;
             passedCount = 0;
+            passedBodies = 0;
         }
 
         /** Begins with what waits, and a value that is given to it. */
@@ -2732,27 +2766,21 @@ public final class WindwardScheme {
             gift = given;
         }
 
-        /** Goes on with what waits, and a value that is given to it. */
-        void resume(int frame, long given) {
-            if (!isOpen) {
-                openWith(frame, given);
-                return;
-            }
-            passOn();
+        /** Goes on with what waits, and a value that is given to it, behind another body in the interval. */
+        void goOnWith(int frame, long given) {
             act = actOf(frame, END);
             waited = frame;
             gift = given;
             testCount = 0;
-            few = 1;
         }
 
         /** Lets the segment at hand be one that was passed, or the START. */
-        private void passOn() {
+        void passOn() {
             boolean isSet = (flags & END_SET) != 0;
             flags &= ~END_SET;
             if (waited == 0 && isSet) {
                 flags |= START_SET;
-                addTests(START_EXTRA, tests, testCount);
+                addTests(START);
             }
             if (waited == 0) {
                 return;
@@ -2762,6 +2790,7 @@ public final class WindwardScheme {
                 firstPassed = waited;
                 firstGift = gift;
                 passedCount = 0;
+                passedBodies = 0;
             }
             if ((flags & PASSED_SET) != 0) {
                 for (int i = 0; i < testCount && passedCount <= MOST_TESTS; i++) {
@@ -2769,20 +2798,14 @@ public final class WindwardScheme {
                     passedCount++;
                 }
                 passedCount = testCount > MOST_TESTS ? MOST_TESTS + 1 : passedCount;
+                passedBodies++;
             }
         }
 
         /** Ends the interval at hand, at a place. */
         void close(int place, int moreFlags) {
             flags |= moreFlags;
-            if (few == 0) {
-                addTests(END_EXTRA, tests, testCount);
-            }
-            if ((flags & PASSED_SET) != 0) {
-                addTests(PASSED_EXTRA, passedTests, passedCount);
-                add(firstPassed);
-                add(firstGift);
-            }
+            long few = testCount <= FEW_TESTS ? inWord(tests, testCount) : 0;
             int base = now * WORDS;
             long around = table.get(base + 1) & INTERVAL_MASK;
             long ended = (long) place << PLACE_SHIFT | (long) waited << WAITED_SHIFT | (long) flags << FLAG_SHIFT;
@@ -2792,12 +2815,29 @@ public final class WindwardScheme {
             isOpen = false;
         }
 
-        void noteSetting() {
+        /** Notes that a variable of an environment is set. */
+        void noteSetting(int environment) {
             flags |= END_SET;
+            long word = table.get(environment * WORDS + 4);
+            table.put(environment * WORDS + 4, word & (1L << MASK_BITS) - 1 | (long) now << MASK_BITS);
+        }
+
+        /** Whether variables were set in the segment at hand. */
+        boolean isSegmentSet() {
+            return (flags & END_SET) != 0;
         }
 
         int actNow() {
             return act;
+        }
+
+        int waitedNow() {
+            return waited;
+        }
+
+        /** How many bodies were passed in the interval at hand, from the first one on in which variables were set. */
+        int countOfPassed() {
+            return passedBodies;
         }
 
         // ---- tests
@@ -2806,15 +2846,19 @@ public final class WindwardScheme {
             if (testCount < MOST_TESTS) {
                 putBit(tests, testCount, holds ? 1 : 0);
             }
-            few = testCount < FEW_TESTS ? few << 1 | (holds ? 1 : 0) : 0;
             testCount = Math.min(testCount + 1, MOST_TESTS + 1);
+        }
+
+        /** Tests in a word, below a 1. */
+        private static long inWord(Area row, int count) {
+            return (count == 0 ? 0 : row.get(0)) | 1L << count;
         }
 
         private static int bit(Area row, int index) {
             return (int) (row.get(index >> 6) >>> (index & 63)) & 1;
         }
 
-        private static void putBit(Area row, int index, int bit) {
+        static void putBit(Area row, int index, int bit) {
             int place = index >> 6;
             if ((index & 63) == 0) {
                 row.reach(place + 1);
@@ -2824,122 +2868,186 @@ public final class WindwardScheme {
             row.put(place, word | (long) bit << (index & 63));
         }
 
-        /** Puts tests into an extra. They are rows of nodes, each of which knows the one ahead, and some bits behind them. */
-        private void addTests(int type, Area row, int count) {
-            int node = 0;
-            long bits = 0;
-            int bitsHere = 0;
-            boolean isKnown = count <= MOST_TESTS;
-            for (int i = 0; i < count && isKnown; i++) {
-                bits |= (long) bit(row, i) << bitsHere;
-                bitsHere++;
-                if (bitsHere == BITS_OF_NODE) {
-                    node = nodeOf(node | bits << LINK_BITS);
-                    isKnown = node != 0;
-                    bits = 0;
-                    bitsHere = 0;
+        /** Puts the tests of a segment at hand into an extra, if there is need of it, and room for them. */
+        void addTests(int segment) {
+            Area row = segment == PASSED ? passedTests : tests;
+            int count = segment == PASSED ? passedCount : testCount;
+            if (segment == PASSED ? (flags & PASSED_SET) == 0 : segment == END && count <= FEW_TESTS) {
+                return;
+            }
+            boolean isOfWord = count <= TESTS_OF_WORD;
+            long content = isOfWord ? inWord(row, count) : 0;
+            if (!isOfWord && count <= MOST_TESTS) {
+                int hash = hashOf(row, count);
+                content = rowOf(row, count, hash);
+                if (content == 0 && isRoomyForTests()) {
+                    content = addRow(row, count, hash);
                 }
             }
-            addExtra(type, isKnown ? count : NO_TESTS);
-            add(node | bits << LINK_BITS);
+            boolean isKnown = content != 0 && isRoomyForTests();
+            if (isKnown || segment == PASSED) {
+                addExtra(testsOf(segment), isKnown ? count : NO_TESTS);
+                add(content);
+            }
+            if (segment == PASSED) {
+                add(firstPassed);
+                add(firstGift);
+            }
         }
 
-        /** Where such a node is; it is made if that is not known. 0 if there is no room for it. */
-        private int nodeOf(long word) {
-            int hash = ((int) word * 0x9E3779B1 + (int) (word >>> 32) * 0x7FEB352D) * 0x85EBCA6B >>> NODES_SHIFT;
-            int node = at(nodes, hash);
-            if (node != 0 && log.get(node) == word) {
-                return node;
+        private static int hashOf(Area row, int count) {
+            int hash = count;
+            for (int i = 0; i < count; i += 64) {
+                long word = row.get(i >> 6);
+                hash = (hash * 31 + (int) word) * 0x9E3779B1 + (int) (word >>> 32);
             }
-            node = 0;
-            if (isRoomy()) {
-                node = end;
-                log.put(end, word);
+            return hash >>> ROWS_SHIFT;
+        }
+
+        /** Where such tests are in the log; 0 if that is not known. They may be there as what differs from others. */
+        private int rowOf(Area row, int count, int hash) {
+            int place = at(rows, hash);
+            long head = log.get(place);
+            int words = count + 63 >> 6;
+            int base = (int) (head >>> BASE_SHIFT) & LINK_MASK;
+            int changed = place + 1 + (words + 63 >> 6);
+            boolean isSame = place != 0 && (head & NO_TESTS) == count;
+            for (int i = 0; i < words && isSame; i++) {
+                boolean isOther = base != 0 && (log.get(place + 1 + (i >> 6)) >>> (i & 63) & 1) != 0;
+                int from = isOther ? changed : (base == 0 ? place : base) + 1 + i;
+                isSame = log.get(from) == row.get(i);
+                changed += isOther ? 1 : 0;
+            }
+            return isSame ? place : 0;
+        }
+
+        /** Puts tests into the log; where they are. */
+        private int addRow(Area row, int count, int hash) {
+            int words = count + 63 >> 6;
+            int base = at(rows, ROWS + count % BASES);
+            int changed = base == 0 || (log.get(base) & NO_TESTS) != count ? words : countOfChanged(base, row, words);
+            int made = end;
+            boolean isOther = changed + (words + 63 >> 6) < words - words / 4;
+            log.put(made, count | (isOther ? (long) base << BASE_SHIFT | (long) changed << CHANGED_SHIFT : 0));
+            end++;
+            if (isOther) {
+                addChanged(base, row, words);
+            } else {
+                for (int i = 0; i < words; i++) {
+                    log.put(end, row.get(i));
+                    end++;
+                }
+                put(rows, ROWS + count % BASES, made);
+            }
+            put(rows, hash, made);
+            return made;
+        }
+
+        private int countOfChanged(int base, Area row, int words) {
+            int changed = 0;
+            for (int i = 0; i < words; i++) {
+                changed += log.get(base + 1 + i) == row.get(i) ? 0 : 1;
+            }
+            return changed;
+        }
+
+        /** Adds which words of a row differ from another one, and these. */
+        private void addChanged(int base, Area row, int words) {
+            for (int i = 0; i < words; i += 64) {
+                long which = 0;
+                for (int j = i; j < words && j < i + 64; j++) {
+                    which |= log.get(base + 1 + j) == row.get(j) ? 0 : 1L << j - i;
+                }
+                log.put(end, which);
                 end++;
-                put(nodes, hash, node);
             }
-            return node;
+            for (int i = 0; i < words; i++) {
+                if (log.get(base + 1 + i) != row.get(i)) {
+                    log.put(end, row.get(i));
+                    end++;
+                }
+            }
         }
 
-        /** How many tests are known of a segment; -1 if they are not. */
-        int countOfTests(int interval, int segment) {
-            boolean isAtHand = interval == now && isOpen;
-            if (isAtHand && segment != START) {
-                int count = segment == END ? testCount : passedCount;
-                return count > MOST_TESTS ? UNKNOWN_TEST : count;
+        private void loadRow(int place) {
+            long head = log.get(place);
+            int words = (int) (head & NO_TESTS) + 63 >> 6;
+            int base = (int) (head >>> BASE_SHIFT) & LINK_MASK;
+            int from = (base == 0 ? place : base) + 1;
+            for (int i = 0; i < words; i++) {
+                putWord(loaded, i, log.get(from + i));
             }
-            long noted = isAtHand || segment != END ? 0 : table.get(interval * WORDS + 2) >>> TESTS_SHIFT;
-            if (noted != 0) {
-                int count = 0;
-                for (int i = 1; i <= FEW_TESTS && noted >>> i != 0; i++) {
-                    count++;
+            int changed = place + 1 + (words + 63 >> 6);
+            for (int i = 0; i < words && base != 0; i++) {
+                if ((log.get(place + 1 + (i >> 6)) >>> (i & 63) & 1) != 0) {
+                    putWord(loaded, i, log.get(changed));
+                    changed++;
                 }
-                return count;
             }
-            int extra = extraOf(interval, testsOf(segment));
-            int count = extra == 0 ? NO_TESTS : infoOf(extra) & NO_TESTS;
-            return count == NO_TESTS ? UNKNOWN_TEST : count;
         }
 
         private static int testsOf(int segment) {
             return segment == START ? START_EXTRA : segment == PASSED ? PASSED_EXTRA : END_EXTRA;
         }
 
-        /** What a test of a segment came to: 1 or 0; -1 if that is not known. */
-        int testOf(int interval, int segment, int index) {
-            int count = countOfTests(interval, segment);
-            boolean isAtHand = interval == now && isOpen;
-            if (index < 0 || index >= count) {
-                return UNKNOWN_TEST;
+        /** By what the tests of an END or START are known, which is the same for tests that are the same; 0 if they are not. */
+        long keyOfTests(int interval, int segment) {
+            long noted = segment == END ? table.get(interval * WORDS + 2) >>> TESTS_SHIFT : 0;
+            int extra = noted != 0 ? 0 : extraOf(interval, testsOf(segment));
+            if (extra == 0) {
+                return noted;
             }
-            if (isAtHand && segment != START) {
-                return bit(segment == END ? tests : passedTests, index);
-            }
-            long noted = segment != END || isAtHand ? 0 : table.get(interval * WORDS + 2) >>> TESTS_SHIFT;
-            if (noted != 0) {
-                return (int) (noted >>> count - 1 - index) & 1;
-            }
-            load(interval, segment, count);
-            return bit(loaded, index);
+            return infoOf(extra) <= TESTS_OF_WORD ? log.get(extra + 1) : OF_ROW | log.get(extra + 1);
         }
 
-        /** Lets the tests of a segment be at hand. */
-        private void load(int interval, int segment, int count) {
-            long key = (long) interval << 2 | segment;
-            if (key == loadedKey) {
-                return;
-            }
-            long word = log.get(extraOf(interval, testsOf(segment)) + 1);
-            int first = count / BITS_OF_NODE * BITS_OF_NODE;
-            loaded.reach((count >> 6) + 2);
-            for (; first >= 0; first -= BITS_OF_NODE) {
-                for (int i = 0; i < BITS_OF_NODE && first + i < count; i++) {
-                    int place = first + i >> 6;
-                    long bit = 1L << (first + i & 63);
-                    boolean holds = (word >>> LINK_BITS + i & 1) != 0;
-                    loaded.put(place, holds ? loaded.get(place) | bit : loaded.get(place) & ~bit);
+        /** Lets the tests of a segment be at hand; how many there are, or -1 if they are not known. */
+        int load(int interval, int segment) {
+            if (segment == PASSED && interval == now && isOpen) {
+                needLoaded(passedCount);
+                for (int i = 0; i < passedCount; i += 64) {
+                    putWord(loaded, i >> 6, passedTests.get(i >> 6));
                 }
-                word = log.get((int) word & LINK_MASK);
+                return passedCount > MOST_TESTS ? -1 : passedCount;
             }
-            loadedKey = key;
+            long noted = segment == END ? table.get(interval * WORDS + 2) >>> TESTS_SHIFT : 0;
+            int extra = noted != 0 ? 0 : extraOf(interval, testsOf(segment));
+            int count = extra == 0 ? NO_TESTS : infoOf(extra);
+            if (noted != 0) {
+                count = 63 - Long.numberOfLeadingZeros(noted);
+            }
+            if (count == NO_TESTS) {
+                return -1;
+            }
+            needLoaded(count);
+            if (count > TESTS_OF_WORD) {
+                loadRow((int) log.get(extra + 1));
+            } else {
+                putWord(loaded, 0, noted != 0 ? noted : log.get(extra + 1));
+            }
+            return count;
         }
 
-        /** By what the tests of an END are known, if they are the same as in another one; 0 if they are not known. */
-        long keyOfTests(int interval) {
-            if (interval == now && isOpen) {
-                return few;
+        /** Lets there be room for so many tests. */
+        private void needLoaded(int count) {
+            int length = loaded.length;
+            for (int i = 0; i < 30 && length << 6 < count; i++) {
+                length *= 2;
             }
-            long noted = table.get(interval * WORDS + 2) >>> TESTS_SHIFT;
-            int extra = noted != 0 ? 0 : extraOf(interval, END_EXTRA);
-            boolean isKnown = extra != 0 && (infoOf(extra) & NO_TESTS) != NO_TESTS;
-            return noted != 0 ? noted : isKnown ? ~log.get(extra + 1) : 0;
+            loaded = length > loaded.length ? new long[length] : loaded;
+        }
+
+        /** Lets tests be at hand that were found: the first of some words of them. */
+        void loadWord(int count, int index, long word) {
+            needLoaded(count);
+            putWord(loaded, index, word);
+        }
+
+        /** What a test came to of those that are at hand. */
+        boolean isLoadedTest(int index) {
+            return (wordAt(loaded, index >> 6) >>> (index & 63) & 1) != 0;
         }
 
         // ---- what is known of intervals
-
-        boolean isBegun(int interval) {
-            return (table.get(interval * WORDS) & BEGUN) != 0;
-        }
 
         /** Whether a variable of an activation may be set somewhere. */
         boolean isSetSomewhere(int activation, int place) {
@@ -2971,27 +3079,18 @@ public final class WindwardScheme {
             return hasVariables ? activation : (int) table.get(activation * WORDS + 1) & INTERVAL_MASK;
         }
 
-        /** The activation of a segment: END, START, or the one that was passed where this waited, and 1. */
+        /** The activation of an END or START. */
         int actOf(int interval, int segment) {
             if (segment == START) {
                 return interval;
             }
-            int named = segment == END ? interval : segment - 1;
-            return named == now && isOpen ? act : (int) table.get(named * WORDS + 2) & INTERVAL_MASK;
+            return interval == now && isOpen ? act : (int) table.get(interval * WORDS + 2) & INTERVAL_MASK;
         }
 
-        /** What waited for the value with which a segment went on; 0 if it began with a body. */
-        int waitedOf(int interval, int segment) {
-            if (segment != END) {
-                return segment - 1;
-            }
+        /** What waited for the value with which an END went on; 0 if it began with a body. */
+        int waitedOf(int interval) {
             boolean isAtHand = interval == now && isOpen;
             return isAtHand ? waited : (int) (table.get(interval * WORDS + 1) >>> WAITED_SHIFT) & INTERVAL_MASK;
-        }
-
-        /** The name of a segment that stays its name when others come behind it in its interval. */
-        int lastingSegment(int interval, int segment) {
-            return segment == END && interval == now && isOpen ? waited + 1 : segment;
         }
 
         /** The value with which the END of an interval went on. */
@@ -3042,61 +3141,72 @@ public final class WindwardScheme {
             return frame > 0 && frame < SPECIAL && (table.get(frame * WORDS + 1) >>> FLAG_SHIFT & DROPPING) != 0;
         }
 
-        // ---- masks
+        // ---- what was set
 
         long maskOf(int interval) {
-            return table.get(interval * WORDS + 4);
+            return table.get(interval * WORDS + 4) & (1L << MASK_BITS) - 1;
         }
 
         void addToMask(int interval, long bits) {
             table.put(interval * WORDS + 4, table.get(interval * WORDS + 4) | bits);
         }
+
+        /** In which interval a variable of an environment was set at last; 0 if none was. */
+        int lastOf(int environment) {
+            return (int) (table.get(environment * WORDS + 4) >>> MASK_BITS);
+        }
     }
 
     /**
-     * What variables are set to: in the interval at hand, as far as it is remembered now, and in which intervals some
+     * What variables are set to: in the interval at hand; as far as it is remembered now; and in which intervals some
      * variable may have been set. For that each interval has a mask, and so have blocks of 8, 64, 512 and 4096 of them, in
-     * which a variable has one bit; the first bit stands for all variables.
+     * which a variable has one bit; the first bit stands for all variables. Now and then there is an anchor: all variables
+     * of older environments that were set since the last one, with what they are.
+     *
+     * <p>What a variable was ahead of the interval at hand (or of the body in it from which on settings are known) may be put
+     * in place of a value, so that it need not be found if nothing looks at it.
      */
     private static final class Settings {
         static final int ANY = 4095; // in place of a variable: any of an environment
-        private static final int MOST = 2048;
-        private static final int HEADS = 1024;
-        private static final int HEADS_SHIFT = 22;
+        static final int GLOBALS = 64;
+        private static final int HEADS = 4096;
+        private static final int HEADS_SHIFT = 20;
+        private static final int NEXT_SHIFT = 32;
+        private static final int MOST = 1 << 17;
+        private static final int FORGET = 2048; // more of them are forgotten at the end of a body
+        private static final int AHEAD_SHIFT = 8;
         private static final int MOST_KEYS = 24;
-        private static final int BLOOM_SHIFT = 16;
-        private static final int BLOOM_WORDS = 1024;
-        private static final int LEAST_FILTER = 4;
-        private static final int BITS_OF_KEY = 8; // of a filter, at least
-        private static final int FILTERS = 64;
-        private static final int FILTERS_SHIFT = 26;
-        private static final int LEAST_WALK = 256;
-        private static final int MOST_WALK = 1 << 15; // words; entries have two of them
-        private static final int ROUND_SHIFT = 38;
-        private static final int MOST_ROUNDS = 1 << 20;
+        private static final int STABLE = 256;
+        private static final int LEAST_STABLE = 8;
         private static final int MASK_LEVELS = 4;
         private static final int GROUP_BITS = 12;
         private static final int WORDS_OF_GROUP = 3840;
+        private static final int OWN_BITS = 44; // of the mask of an interval, besides the first one
         private static final int KEY_BITS = 12;
         private static final int LEAST_CACHE = 256;
         private static final int MOST_CACHE = 1 << 18; // words; entries have two of them, and there are two in a row
+        static final int MOST_RECENT = 2048;
+        private static final int RECENT_SHIFT = 20;
+        private static final int LEAST_ELAPSED = 64;
+        private static final int PLACE_SHIFT = 20; // of the table of an anchor
+        private static final long COMPLETE = 1L << 48;
 
         private final History history;
-        // The settings of the interval at hand; found by their variables.
-        private final int[] environments;
-        private final int[] places;
-        private final long[] contents;
-        private final int[] nexts;
+        // The settings of the interval at hand, each in two words: variable and the next one with such a hash; content.
+        private final Area entries;
         private final int[] heads;
         int count;
-        boolean areTooMany;
-        private final long[] bloom; // of those that were too many; and of all that were set, ahead of its end
-        private final int[] filters; // where some filters of intervals are
-        // What was set in segments that were looked through at last, each one at last: variable; round, segment and place.
-        private long[] walked;
-        private long walkedKey; // of these segments, and 1 as long as they are not all looked through; or 0
-        private int walkedCount;
-        private int round;
+        private int base; // of bodies passed behind which all are known; -1 if all of the interval are
+        private final int[] globals; // in which intervals global variables were set at last
+        private final int[] stable; // environments that were set of late, in how many intervals
+        private final long[] earlier; // environments that were set of late: in which interval before, and in which
+        // Variables that were set since the last anchor.
+        private final int[] recentRows;
+        private final int[] recent;
+        int recentCount;
+        private boolean areAllRecent;
+        private final Area anchors;
+        private int anchorCount;
         // What variables are now, as far as it is remembered.
         private long[] cache;
         private int cached;
@@ -3104,14 +3214,16 @@ public final class WindwardScheme {
 
         Settings(Area room, History history) {
             this.history = history;
-            environments = new int[MOST];
-            places = new int[MOST];
-            contents = new long[MOST];
-            nexts = new int[MOST];
+            entries = new Area(room, MOST_BLOCKS);
             heads = new int[HEADS];
-            bloom = new long[BLOOM_WORDS];
-            filters = new int[FILTERS];
-            walked = new long[LEAST_WALK];
+            base = -1;
+            globals = new int[GLOBALS];
+            stable = new int[2 * STABLE];
+            earlier = new long[STABLE];
+            recentRows = new int[2 * MOST_RECENT];
+            recent = new int[MOST_RECENT];
+            areAllRecent = true;
+            anchors = new Area(room, MOST_BLOCKS);
             cache = new long[LEAST_CACHE];
             masks = new Area(room, MOST_BLOCKS);
         }
@@ -3121,213 +3233,290 @@ public final class WindwardScheme {
             return (hash ^ hash >>> 15) * 0x2C1B3C6D;
         }
 
+        private static int keyOf(int environment, int place) {
+            return environment << KEY_BITS | place;
+        }
+
+        /** In place of a value: what a variable was ahead. */
+        static long ahead(int environment, int place) {
+            return 1 << VALUE_BITS | (long) keyOf(environment, place) << AHEAD_SHIFT;
+        }
+
+        static boolean isValue(long content) {
+            return (content & VALUE_MASK) != 0;
+        }
+
+        static int environmentAhead(long content) {
+            return (int) (content >>> AHEAD_SHIFT + KEY_BITS);
+        }
+
+        static int placeAhead(long content) {
+            return (int) (content >>> AHEAD_SHIFT) & (1 << KEY_BITS) - 1;
+        }
+
         // ---- the interval at hand
 
         /** The setting of a variable in the interval at hand; -1 if there is none. */
-        private int settingOf(int environment, int place) {
+        int settingOf(int environment, int place) {
             int setting = count > 0 ? at(heads, hashOf(environment, place) >>> HEADS_SHIFT) - 1 : -1;
+            int key = keyOf(environment, place);
             for (int i = 0; i < MOST && setting >= 0; i++) {
-                if (at(places, setting) == place && at(environments, setting) == environment) {
+                long word = entries.get(2 * setting);
+                if ((int) word == key) {
                     return setting;
                 }
-                setting = at(nexts, setting) - 1;
+                setting = (int) (word >>> NEXT_SHIFT) - 1;
             }
             return -1;
         }
 
-        /** Lets a variable be set; to 0, if it is not known to what. */
-        void set(int environment, int place, long value) {
+        /** Lets a variable be set, to a value or to what another one was ahead. */
+        void set(int environment, int place, long content) {
             int setting = settingOf(environment, place);
-            int hash = hashOf(environment, place);
             if (setting < 0 && count < MOST) {
+                int head = hashOf(environment, place) >>> HEADS_SHIFT;
                 setting = count;
+                entries.reach(2 * count + 2);
+                entries.put(2 * setting, keyOf(environment, place) | (long) at(heads, head) << NEXT_SHIFT);
+                put(heads, head, setting + 1);
                 count++;
-                put(environments, setting, environment);
-                put(places, setting, place);
-                put(nexts, setting, at(heads, hash >>> HEADS_SHIFT));
-                put(heads, hash >>> HEADS_SHIFT, setting + 1);
-            } else if (setting < 0) {
-                areTooMany = true;
-                int bit = hash >>> BLOOM_SHIFT;
-                putWord(bloom, bit >> 6, wordAt(bloom, bit >> 6) | 1L << (bit & 63));
+                int last = history.lastOf(environment);
+                if (environment != 0 && last < history.now) {
+                    putWord(earlier, environment & STABLE - 1, environment | (long) last << 20 | (long) history.now << 40);
+                }
             }
-            putWord(contents, setting, value);
-            if (environment != 0) {
-                remember(environment, place, value);
+            history.noteSetting(environment);
+            entries.put(2 * setting + 1, content);
+            if (environment == 0) {
+                put(globals, place, history.now);
+            } else {
+                remember(environment, place, isValue(content) ? content : 0);
             }
-        }
-
-        /** Whether a variable may have been set in the interval at hand. */
-        boolean mayBeSetNow(int environment, int place) {
-            int bit = hashOf(environment, place) >>> BLOOM_SHIFT;
-            boolean isAmongMany = areTooMany && (wordAt(bloom, bit >> 6) >>> (bit & 63) & 1) != 0;
-            return isAmongMany || settingOf(environment, place) >= 0;
         }
 
         int environmentOf(int setting) {
-            return at(environments, setting);
+            return (int) entries.get(2 * setting) >>> KEY_BITS;
         }
 
         int placeOf(int setting) {
-            return at(places, setting);
+            return (int) entries.get(2 * setting) & (1 << KEY_BITS) - 1;
         }
 
         long contentOf(int setting) {
-            return wordAt(contents, setting);
+            return entries.get(2 * setting + 1);
         }
 
         void setContent(int setting, long value) {
-            putWord(contents, setting, value);
-            remember(at(environments, setting), at(places, setting), value);
+            entries.put(2 * setting + 1, value);
+            if (environmentOf(setting) != 0) {
+                remember(environmentOf(setting), placeOf(setting), value);
+            }
         }
 
-        /** Whether all that variables were set to is known. */
-        boolean areKnown() {
-            boolean areKnown = !areTooMany;
-            for (int i = 0; i < count && areKnown; i++) {
-                areKnown = contentOf(i) != 0;
+        /** Goes on behind a body; if much is known of the interval at hand, it is forgotten. */
+        void pass() {
+            if (count > FORGET) {
+                forgetAll();
+                base = history.countOfPassed();
             }
-            return areKnown;
         }
 
-        /** Keeps which variables were set in the interval at hand, if they are many; it is kept once if it is the same again. */
-        void addFilter() {
-            if (!isOfAll()) {
-                return;
-            }
-            int words = areTooMany ? BLOOM_WORDS : LEAST_FILTER;
-            for (; words < BLOOM_WORDS && words * 64 < BITS_OF_KEY * count; words *= 2) {
-                // It is a power of two.
-            }
+        private void forgetAll() {
             for (int i = 0; i < count; i++) {
-                int bit = hashOf(at(environments, i), at(places, i)) >>> BLOOM_SHIFT & words * 64 - 1;
-                putWord(bloom, bit >> 6, wordAt(bloom, bit >> 6) | 1L << (bit & 63));
+                put(heads, hashOf(environmentOf(i), placeOf(i)) >>> HEADS_SHIFT, 0);
             }
-            int hash = words;
-            for (int i = 0; i < words; i++) {
-                long word = wordAt(bloom, i);
-                hash = (hash * 31 + (int) word) * 31 + (int) (word >>> 32);
-            }
-            int row = hash * 0x9E3779B1 >>> FILTERS_SHIFT;
-            boolean isKnown = isFilter(at(filters, row), words);
-            if (!isKnown && history.isRoomy()) {
-                put(filters, row, history.add(words));
-                for (int i = 0; i < words; i++) {
-                    history.add(wordAt(bloom, i));
-                }
-                isKnown = true;
-            }
-            if (isKnown) {
-                history.addExtra(History.FILTER_EXTRA, at(filters, row));
-            }
+            count = 0;
         }
 
-        /** Whether there is such a filter at a place of the log. */
-        private boolean isFilter(int place, int words) {
-            boolean isSame = place != 0 && history.word(place) == words;
-            for (int i = 0; i < words && isSame; i++) {
-                isSame = history.word(place + 1 + i) == wordAt(bloom, i);
-            }
-            return isSame;
+        /** How many bodies were passed behind which all settings are known; -1 if all of the interval at hand are. */
+        int base() {
+            return base;
         }
 
-        /** Whether a variable may be among those of a filter at a place of the log. */
-        boolean mayBeIn(int filter, int environment, int place) {
-            int words = (int) history.word(filter);
-            int bit = hashOf(environment, place) >>> BLOOM_SHIFT & words * 64 - 1;
-            return (history.word(filter + 1 + (bit >> 6)) >>> (bit & 63) & 1) != 0;
-        }
-
-        /** Whether variables of so many environments were set that no mask tells them apart. */
-        private boolean isOfAll() {
-            int runs = areTooMany ? MOST_KEYS + 1 : 0;
+        /** Lets the settings at hand be those of an interval that has ended, perhaps with an anchor. */
+        void commit(int interval, boolean isAnchored) {
+            int runs = base >= 0 ? MOST_KEYS + 1 : 0;
             for (int i = 0; i < count && runs <= MOST_KEYS; i++) {
-                runs += i == 0 || at(environments, i - 1) != at(environments, i) ? 1 : 0;
+                runs += isRunBegun(i) ? 1 : 0;
             }
-            return runs > MOST_KEYS;
-        }
-
-        /** Lets the settings at hand be those of an interval that has ended. */
-        void commit(int interval) {
-            boolean areMany = count > MOST_KEYS;
-            boolean isAll = isOfAll();
-            if (isAll) {
+            if (runs > MOST_KEYS) {
                 markAll(interval);
             }
             for (int i = 0; i < count; i++) {
-                int environment = at(environments, i);
-                int place = at(places, i);
-                boolean isFirst = i == 0 || at(environments, i - 1) != environment;
-                if (!isAll && (!areMany || isFirst)) {
-                    mark(interval, hashOf(environment, areMany ? ANY : place));
+                int environment = environmentOf(i);
+                if (isRunBegun(i)) {
+                    noteStable(environment);
                 }
-                put(heads, hashOf(environment, place) >>> HEADS_SHIFT, 0);
-            }
-            for (int i = 0; i < BLOOM_WORDS && isAll; i++) {
-                putWord(bloom, i, 0);
-            }
-            count = 0;
-            areTooMany = false;
-        }
-
-        // ---- segments that were looked through
-
-        /** Begins to look through segments. */
-        void beginWalk(long key) {
-            walkedKey = key | 1;
-            walkedCount = 0;
-            round++;
-            if (round >= MOST_ROUNDS) {
-                round = 1;
-                for (int i = 0; i < walked.length; i++) {
-                    putWord(walked, i, 0);
+                boolean isOwn = count <= MOST_KEYS && isStable(environment);
+                if (runs <= MOST_KEYS && (isOwn || isRunBegun(i))) {
+                    mark(interval, hashOf(environment, isOwn ? placeOf(i) : ANY));
                 }
             }
-        }
-
-        /** Notes where a variable was set, in a segment that is looked through. */
-        void noteWalked(long key, int environment, int place, long where) {
-            if (walkedKey != (key | 1)) {
-                return;
+            if (!isAnchored) {
+                addRecent();
+                areAllRecent = areAllRecent && base < 0;
             }
-            int row = rowOfWalked(hashOf(environment, place), (long) environment << KEY_BITS | place);
-            boolean isNew = wordAt(walked, row + 1) >>> ROUND_SHIFT != round;
-            walkedCount += isNew ? 1 : 0;
-            putWord(walked, row, (long) environment << KEY_BITS | place);
-            putWord(walked, row + 1, where | (long) round << ROUND_SHIFT);
-            if (walkedCount > walked.length >> 2) {
-                // There is no room for all of them now, but for the next time.
-                walkedKey = 0;
-                walked = walked.length < MOST_WALK ? new long[4 * walked.length] : walked;
+            boolean isLarge = count > FORGET;
+            forgetAll();
+            if (isLarge) {
+                entries.release();
+            }
+            base = -1;
+            if (cached > cache.length >> 1 && cache.length < MOST_CACHE) {
+                growCache();
             }
         }
 
-        void endWalk(long key) {
-            walkedKey = walkedKey == (key | 1) ? key : 0;
+        private boolean isRunBegun(int setting) {
+            return setting == 0 || environmentOf(setting - 1) != environmentOf(setting);
         }
 
-        boolean isWalked(long key) {
-            return walkedKey == key;
+        /** Counts the intervals in which variables of an environment were set. */
+        private void noteStable(int environment) {
+            int row = environment % STABLE * 2;
+            int times = at(stable, row) == environment ? at(stable, row + 1) : 0;
+            put(stable, row, environment);
+            put(stable, row + 1, Math.min(times + 1, LEAST_STABLE));
         }
 
-        /** Where a variable was set at last in the segments that were looked through; 0 if it was not. */
-        long walked(int environment, int place) {
-            int row = rowOfWalked(hashOf(environment, place), (long) environment << KEY_BITS | place);
-            boolean isThere = wordAt(walked, row + 1) >>> ROUND_SHIFT == round;
-            return isThere ? wordAt(walked, row + 1) & (1L << ROUND_SHIFT) - 1 : 0;
+        private boolean isStable(int environment) {
+            int row = environment % STABLE * 2;
+            return environment == 0 || at(stable, row) == environment && at(stable, row + 1) >= LEAST_STABLE;
         }
 
-        /** The row of a variable that was noted, or one that is free. */
-        private int rowOfWalked(int hash, long key) {
-            int row = hash << 1 & walked.length - 2;
-            for (int i = 0; i < walked.length; i += 2) {
-                boolean isInside = row >= 0 && row + 1 < walked.length;
-                if (!isInside || walked[row + 1] >>> ROUND_SHIFT != round || walked[row] == key) {
-                    return row;
+        // ---- anchors
+
+        /** Counts those that are set in the interval at hand to the ones that were set since the last anchor. */
+        void addRecent() {
+            int last = lastAnchor();
+            for (int i = 0; i < count && areAllRecent; i++) {
+                int key = (int) entries.get(2 * i);
+                if (key >>> KEY_BITS <= last) {
+                    noteRecent(key);
                 }
-                row = row + 2 & walked.length - 2;
             }
-            return row;
+        }
+
+        private void noteRecent(int key) {
+            int row = key * 0x9E3779B1 >>> RECENT_SHIFT;
+            for (int i = 0; i < recentRows.length; i++) {
+                int found = at(recentRows, row) - 1;
+                if (found < 0 && recentCount >= MOST_RECENT) {
+                    areAllRecent = false;
+                } else if (found < 0) {
+                    put(recent, recentCount, key);
+                    recentCount++;
+                    put(recentRows, row, recentCount);
+                }
+                if (found < 0 || at(recent, found) == key) {
+                    return;
+                }
+                row = row + 1 & recentRows.length - 1;
+            }
+        }
+
+        private int lastAnchor() {
+            return anchorCount == 0 ? 0 : (int) anchors.get(anchorCount - 1) & INTERVAL_MASK;
+        }
+
+        boolean isAnchorDue() {
+            return history.now - lastAnchor() >= LEAST_ELAPSED + recentCount / 2 && history.isRoomy();
+        }
+
+        /** The variables of which the values are to be at hand for an anchor. */
+        int countOfAnchor() {
+            return areAllRecent && base < 0 ? recentCount : 0;
+        }
+
+        int recentEnvironment(int index) {
+            return at(recent, index) >>> KEY_BITS;
+        }
+
+        int recentPlace(int index) {
+            return at(recent, index) & (1 << KEY_BITS) - 1;
+        }
+
+        /** Puts an anchor at the interval at hand, with what these variables are. */
+        void addAnchor(long[] values) {
+            int held = countOfAnchor();
+            long table = history.add(held);
+            for (int i = 0; i < recentRows.length && recentCount > 0; i++) {
+                put(recentRows, i, 0);
+            }
+            sortRecent(held, values);
+            for (int i = 0; i < held; i++) {
+                history.addTwo(at(recent, i), wordAt(values, i));
+            }
+            boolean isComplete = areAllRecent && base < 0;
+            anchors.reach(anchorCount + 1);
+            anchors.put(anchorCount, history.now | table << PLACE_SHIFT | (isComplete ? COMPLETE : 0));
+            anchorCount++;
+            recentCount = 0;
+            areAllRecent = true;
+        }
+
+        /** Puts the variables in order, and their values with them. */
+        private void sortRecent(int held, long[] values) {
+            int step = 1;
+            for (int i = 0; i < 20 && step < held / 9; i++) {
+                step = 3 * step + 1;
+            }
+            for (; step > 0; step /= 3) {
+                for (int i = step; i < held; i++) {
+                    int key = at(recent, i);
+                    long value = wordAt(values, i);
+                    int j = i;
+                    for (; j >= step && at(recent, j - step) > key; j -= step) {
+                        put(recent, j, at(recent, j - step));
+                        putWord(values, j, wordAt(values, j - step));
+                    }
+                    put(recent, j, key);
+                    putWord(values, j, value);
+                }
+            }
+        }
+
+        /** The first anchor at an interval or behind it; -1 if there is none, or it is not ahead of another interval. */
+        int anchorAt(int interval, int ahead) {
+            int low = 0;
+            int high = anchorCount;
+            for (int i = 0; i < 32 && low < high; i++) {
+                int middle = low + high >>> 1;
+                if (((int) anchors.get(middle) & INTERVAL_MASK) < interval) {
+                    low = middle + 1;
+                } else {
+                    high = middle;
+                }
+            }
+            return low < anchorCount && ((int) anchors.get(low) & INTERVAL_MASK) < ahead ? low : -1;
+        }
+
+        /** The interval of the anchor before. */
+        int intervalBefore(int anchor) {
+            return anchor <= 0 ? 0 : (int) anchors.get(anchor - 1) & INTERVAL_MASK;
+        }
+
+        /** Whether an anchor has all variables of an environment that were set since the one before it. */
+        boolean isComplete(int anchor, int environment) {
+            return (anchors.get(anchor) & COMPLETE) != 0 && environment <= intervalBefore(anchor);
+        }
+
+        /** What a variable was at an anchor; 0 if it was not set since the one before it. */
+        long anchored(int anchor, int environment, int place) {
+            int table = (int) (anchors.get(anchor) >>> PLACE_SHIFT) & LINK_MASK;
+            int key = keyOf(environment, place);
+            int low = 0;
+            int high = (int) history.word(table);
+            for (int i = 0; i < 32 && low < high; i++) {
+                int middle = low + high >>> 1;
+                int found = (int) history.word(table + 1 + 2 * middle);
+                if (found == key) {
+                    return history.word(table + 2 + 2 * middle);
+                }
+                low = found < key ? middle + 1 : low;
+                high = found < key ? high : middle;
+            }
+            return 0;
         }
 
         // ---- what is remembered
@@ -3339,17 +3528,25 @@ public final class WindwardScheme {
         /** What a variable is now; 0 if that is not remembered. */
         long known(int environment, int place) {
             int row = rowOf(hashOf(environment, place));
-            long key = (long) environment << KEY_BITS | place;
+            long key = keyOf(environment, place);
             if (wordAt(cache, row) == key) {
                 return wordAt(cache, row + 1);
             }
-            return wordAt(cache, row + 2) == key ? wordAt(cache, row + 3) : 0;
+            long found = wordAt(cache, row + 2) == key ? wordAt(cache, row + 3) : 0;
+            if (found != 0) {
+                // What is looked at stays longer.
+                putWord(cache, row + 2, wordAt(cache, row));
+                putWord(cache, row + 3, wordAt(cache, row + 1));
+                putWord(cache, row, key);
+                putWord(cache, row + 1, found);
+            }
+            return found;
         }
 
         /** Lets it be remembered what a variable is now; 0 lets it be forgotten. */
         void remember(int environment, int place, long value) {
             int row = rowOf(hashOf(environment, place));
-            long key = (long) environment << KEY_BITS | place;
+            long key = keyOf(environment, place);
             if (wordAt(cache, row) != key) {
                 if (wordAt(cache, row + 2) != key) {
                     cached++;
@@ -3359,19 +3556,17 @@ public final class WindwardScheme {
                 putWord(cache, row, key);
             }
             putWord(cache, row + 1, value);
-            if (cached > cache.length >> 1 && cache.length < MOST_CACHE) {
-                growCache();
-            }
         }
 
+        /** Lets more be remembered, if there is much. */
         private void growCache() {
             long[] before = cache;
             cache = new long[4 * before.length];
             cached = 0;
             for (int i = before.length - 2; i >= 0; i -= 2) {
-                long key = wordAt(before, i);
+                int key = (int) wordAt(before, i);
                 if (key != 0) {
-                    remember((int) (key >>> KEY_BITS), (int) key & (1 << KEY_BITS) - 1, wordAt(before, i + 1));
+                    remember(key >>> KEY_BITS, key & (1 << KEY_BITS) - 1, wordAt(before, i + 1));
                 }
             }
         }
@@ -3388,7 +3583,7 @@ public final class WindwardScheme {
         }
 
         int blocks() {
-            return masks.countOfBlocks();
+            return masks.countOfBlocks() + anchors.countOfBlocks();
         }
 
         /** Where the mask of the block around an interval begins, at a level from 1 to 4. */
@@ -3400,7 +3595,7 @@ public final class WindwardScheme {
 
         /** The bit of a variable in a mask of a level, never the first one. */
         private static int bitOf(int level, int hash) {
-            return Math.max(1, hash >>> 26 - 2 * level);
+            return level == 0 ? 1 + (hash >>> 8) % OWN_BITS : Math.max(1, hash >>> 26 - 2 * level);
         }
 
         private void mark(int interval, int hash) {
@@ -3429,12 +3624,25 @@ public final class WindwardScheme {
                     || (masks.get(place) & 1) != 0;
         }
 
-        /** The last interval ahead of one, and not ahead of another, in which a variable may have been set; 0 if none. */
-        int lastSetting(int environment, int place, int ahead, int lowest) {
+        /** Up to which interval, ahead of another one, a variable may have been set, as far as that is known at once. */
+        int lastPossible(int environment, int place, int ahead) {
+            if (environment == 0) {
+                int last = at(globals, place);
+                return last < ahead ? last : ahead - 1;
+            }
+            int last = Math.min(history.lastOf(environment), ahead - 1);
+            long noted = wordAt(earlier, environment & STABLE - 1);
+            int from = (int) (noted >>> 20) & INTERVAL_MASK;
+            boolean isOfIt = (noted & INTERVAL_MASK) == environment && last < noted >>> 40 && last > from;
+            return isOfIt ? from : last;
+        }
+
+        /** The last interval up to one, and from another one on, in which a variable may have been set; 0 if none. */
+        int lastSetting(int environment, int place, int last, int lowest) {
             int hash = hashOf(environment, place);
             int other = hashOf(environment, ANY);
             long bits = 1 | 1L << bitOf(0, hash) | 1L << bitOf(0, other);
-            int interval = ahead - 1;
+            int interval = last;
             for (int i = 0; i < MAX_STEPS && interval >= lowest && interval > 0; i++) {
                 if ((history.maskOf(interval) & bits) != 0) {
                     return interval;
@@ -3450,131 +3658,653 @@ public final class WindwardScheme {
     }
 
     /**
-     * Finds what parts of segments came to, by the code and by what variables were then, in steps.
+     * Goes through the code of a segment and finds what variables are set to in it, and what the parts of the calls came to
+     * that are open at its end, without evaluating anything: as words that tell it by what was ahead of the segment. A word is
+     * a value; or GIFT, the value that the segment went on with; or MADE and the place of a lambda; or AHEAD and a variable, as
+     * it was ahead. A variable is its place and how far out its environment is.
      *
-     * <p>The slot of a part tells its value, or a variable, which leads to what it was set to at last ahead of that, or to the
-     * argument that it was bound to, so to another part of an earlier segment, and so on: one task, without a stack. Only for
-     * a test that is not known there is a task within a task; if they are too many, the innermost one is done by itself first.
-     * What was found is known for a while, for some parts on the way, too.
+     * <p>Only for tests values are needed; whoever lets it go asks for them. Walks can be begun within walks. What they came
+     * to is kept for a while, once for all segments that take the same way: in a ring, where it is written over by others.
+     */
+    private static final class Walker {
+        // How a walk goes on.
+        static final int DONE = 0; // it is at the end
+        static final int TESTED = 1; // it needs to be told what a test comes to
+        private static final int GOING = 2;
+        // Words that are no values, by their bits above those of values.
+        static final int GIFT = 1 << VALUE_BITS;
+        static final int MADE = 2 << VALUE_BITS;
+        static final int AHEAD = 3 << VALUE_BITS;
+        static final int SORT_MASK = 63;
+        static final int CONTENT_SHIFT = 8;
+        static final int OUT_SHIFT = 12; // of a variable
+        static final int GLOBAL_OUT = 127;
+        static final long NOT_SET = 7 << VALUE_BITS;
+        // What is kept of walks: settings, parts of calls; tests.
+        static final int SETS = 0;
+        static final int PARTS = 1;
+        static final int TESTS = 2;
+        private static final int HEADS = 1024;
+        private static final int HEADS_SHIFT = 22;
+        private static final int NEXT_SHIFT = 20;
+        private static final int VARIABLE_BITS = (1 << 20) - 1;
+        private static final int LEAST_RING = 1 << 10;
+        private static final int MOST_RING = 1 << 17;
+        private static final int INDEX = 1 << 12;
+        private static final int INDEX_SHIFT = 20;
+        private static final int HEAD_WORDS = 3;
+        private static final int PLACES = 2;
+        private static final int WRITTEN = 4;
+        private static final int MOST_LEVELS = 1 << 14; // words
+
+        private final Store store;
+        private final History history;
+        // Of all walks, each behind the one that it is within: forms that wait, in two words; parts of calls; settings, in two
+        // words; tests that were not known.
+        private final long[] levels;
+        private final Area parts;
+        private final Area sets;
+        private final int[] heads;
+        int levelCount;
+        int partCount;
+        int setCount;
+        // The walk at hand: where its forms and settings begin, its program.
+        private int firstLevel;
+        private int firstSet;
+        private int program;
+        private int limit; // the place ahead of which it ends; 0 if there is none
+        private int tests; // that are at hand
+        private int seen; // of them
+        private int form;
+        private int formPlace;
+        private boolean isTaking;
+        long value;
+        // Rings of what is kept of settings and parts, and of tests; where entries are in them; how many words were written.
+        private final long[][] rings;
+
+        Walker(Area room, Store store, History history) {
+            this.store = store;
+            this.history = history;
+            levels = new long[MOST_LEVELS];
+            parts = new Area(room, MOST_BLOCKS);
+            sets = new Area(room, MOST_BLOCKS);
+            heads = new int[HEADS];
+            rings = new long[WRITTEN + 1][LEAST_RING];
+            rings[PLACES] = new long[INDEX];
+            rings[PLACES + 1] = new long[INDEX];
+        }
+
+        // ---- walks
+
+        /** Begins with a body, or behind the place where one waited. */
+        void beginAt(int newProgram, int body, int place, int newLimit) {
+            firstLevel = levelCount;
+            firstSet = setCount;
+            program = newProgram;
+            limit = newLimit;
+            if (place == 0) {
+                form = SEQUENCE | ACTIVE | body + BODY_PLACE << SLOT_SHIFT;
+                formPlace = 0;
+                isTaking = false;
+            } else {
+                openAround(place);
+                value = GIFT;
+                isTaking = true;
+            }
+        }
+
+        /** Goes on with a walk that has no tests, at one of them. */
+        void take(int levelsBelow, int setsBelow, int newProgram, int newLimit) {
+            firstLevel = levelsBelow;
+            firstSet = setsBelow;
+            program = newProgram;
+            limit = newLimit;
+            isTaking = true;
+            tests = 0;
+        }
+
+        /** Tells how many tests there are at hand; none if they are not known. */
+        void setTests(int count) {
+            tests = Math.max(0, count);
+            seen = 0;
+        }
+
+        /** Gives up what walks have that came later. */
+        void cut(int levelsLeft, int partsLeft, int setsLeft) {
+            for (int i = setCount - 1; i >= setsLeft; i--) {
+                long word = sets.get(2 * i);
+                put(heads, headOf((int) word & VARIABLE_BITS), (int) (word >>> NEXT_SHIFT));
+            }
+            setCount = Math.min(setCount, setsLeft);
+            partCount = Math.min(partCount, partsLeft);
+            levelCount = Math.min(levelCount, levelsLeft);
+        }
+
+        /** How many blocks all walks take. */
+        int blocks() {
+            return parts.countOfBlocks() + sets.countOfBlocks();
+        }
+
+        void release() {
+            cut(0, 0, 0);
+            parts.release();
+            sets.release();
+        }
+
+        /** Lets the forms wait that are around a place. */
+        private void openAround(int place) {
+            int content = store.word(program, place) >>> SLOT_SHIFT;
+            for (int i = 0; i < MAX_LEVEL && content != 0; i++) {
+                int around = store.word(program, content - 2);
+                int inside = store.word(program, content - 1) & INDEX_MASK;
+                content = around >>> SLOT_SHIFT;
+                int tag = around & TAG_MASK;
+                boolean isLast = tag == SEQUENCE && store.word(program, content + inside + 1) == 0;
+                if (around != 0 && !isLast && (tag != BRANCH || inside == 0)) {
+                    push(around, content + inside);
+                }
+            }
+            int low = firstLevel;
+            int high = levelCount - 1;
+            for (; low < high; low++) {
+                long word = wordAt(levels, 2 * low);
+                putWord(levels, 2 * low, wordAt(levels, 2 * high));
+                putWord(levels, 2 * high, word);
+                high--;
+            }
+            for (int i = firstLevel; i < levelCount; i++) {
+                long word = wordAt(levels, 2 * i);
+                putWord(levels, 2 * i + 1, partCount | word >>> 32 << 32);
+            }
+        }
+
+        /** Lets a form wait for the part at a place; parts of it from there on are kept. */
+        private void push(int slot, int cursor) {
+            putWord(levels, 2 * levelCount, slot & 0xFFFFFFFFL | (long) cursor << 32);
+            putWord(levels, 2 * levelCount + 1, partCount | (long) cursor << 32);
+            levelCount++;
+        }
+
+        private void goTo(int place) {
+            form = store.word(program, place);
+            formPlace = place;
+            isTaking = false;
+        }
+
+        private void give(long word) {
+            value = word;
+            isTaking = true;
+        }
+
+        /** Goes on up to the end, or a test that comes to what is not known here. */
+        int work() {
+            for (int i = 0; i < MAX_STEPS; i++) {
+                if (!isTaking) {
+                    if (limit != 0 && formPlace == limit && (form & TAG_MASK) != OTHER) {
+                        return DONE;
+                    }
+                    evaluate();
+                } else if (levelCount <= firstLevel) {
+                    return DONE;
+                } else if (((int) wordAt(levels, 2 * levelCount - 2) & TAG_MASK) != BRANCH) {
+                    if (takeValue() != GOING) {
+                        return DONE;
+                    }
+                } else if (seen < tests) {
+                    choose(history.isLoadedTest(seen));
+                    seen++;
+                } else {
+                    return TESTED;
+                }
+            }
+            return DONE;
+        }
+
+        /** Goes on with the part that a test chooses. */
+        void choose(boolean holds) {
+            int content = (int) wordAt(levels, 2 * levelCount - 2) >>> SLOT_SHIFT;
+            levelCount--;
+            goTo(content + (holds ? 1 : 2));
+            if (form == 0) {
+                give(NOTHING);
+            }
+        }
+
+        private void evaluate() {
+            int content = form >>> SLOT_SHIFT;
+            switch (form & TAG_MASK) {
+                case CALL:
+                case BRANCH:
+                    push(form, content);
+                    goTo(content);
+                    break;
+                case SEQUENCE:
+                    if (store.word(program, content + 1) != 0) {
+                        push(form, content);
+                    }
+                    goTo(content);
+                    break;
+                case LOCAL:
+                    giveVariable(content & VARIABLE_MASK | form >>> DEPTH_OUT_SHIFT << OUT_SHIFT);
+                    break;
+                case GLOBAL:
+                    giveVariable(content | GLOBAL_OUT << OUT_SHIFT);
+                    break;
+                case OTHER:
+                    int kind = store.word(program, content);
+                    if (kind == LAMBDA || kind == SYNTAX) {
+                        give(kind == LAMBDA ? MADE | (long) content << CONTENT_SHIFT : NOTHING);
+                    } else {
+                        push(form, content);
+                        goTo(content + 2);
+                    }
+                    break;
+                case CONSTANT:
+                    give(store.valueOf(content));
+                    break;
+                default:
+                    give(store.plainValue(program, content));
+            }
+        }
+
+        private void giveVariable(int variable) {
+            int set = settingOf(variable);
+            give(set < 0 ? AHEAD | (long) variable << CONTENT_SHIFT : sets.get(2 * set + 1));
+        }
+
+        private int takeValue() {
+            long level = wordAt(levels, 2 * levelCount - 2);
+            int cursor = (int) (level >>> 32);
+            switch ((int) level & TAG_MASK) {
+                case CALL:
+                    parts.reach(partCount + 1);
+                    parts.put(partCount, value);
+                    partCount++;
+                    putWord(levels, 2 * levelCount - 2, level + (1L << 32));
+                    goTo(cursor + 1);
+                    return form == 0 ? DONE : GOING;
+                case SEQUENCE:
+                    putWord(levels, 2 * levelCount - 2, level + (1L << 32));
+                    levelCount -= store.word(program, cursor + 2) == 0 ? 1 : 0;
+                    goTo(cursor + 1);
+                    return GOING;
+                default:
+                    return assign(cursor);
+            }
+        }
+
+        private int assign(int node) {
+            int around = store.word(program, node - 2);
+            int inside = (around & TAG_MASK) == OTHER ? 2 : store.word(program, node - 1) & INDEX_MASK;
+            if (limit != 0 && (around >>> SLOT_SHIFT) + inside == limit) {
+                return DONE;
+            }
+            int target = store.word(program, node + 1);
+            boolean isLocal = store.word(program, node) == SET_LOCAL;
+            int variable = isLocal
+                    ? target >>> SLOT_SHIFT & VARIABLE_MASK | target >>> DEPTH_OUT_SHIFT << OUT_SHIFT
+                    : target | GLOBAL_OUT << OUT_SHIFT;
+            int set = settingOf(variable);
+            if (set < 0) {
+                set = setCount;
+                sets.reach(2 * setCount + 2);
+                sets.put(2 * set, variable | (long) at(heads, headOf(variable)) << NEXT_SHIFT);
+                put(heads, headOf(variable), set + 1);
+                setCount++;
+            }
+            sets.put(2 * set + 1, value);
+            levelCount--;
+            give(NOTHING);
+            return GOING;
+        }
+
+        private static int headOf(int variable) {
+            return variable * 0x9E3779B1 >>> HEADS_SHIFT;
+        }
+
+        private int settingOf(int variable) {
+            int set = at(heads, headOf(variable)) - 1;
+            for (int i = 0; i < MAX_STEPS && set >= firstSet; i++) {
+                long word = sets.get(2 * set);
+                if (((int) word & VARIABLE_BITS) == variable) {
+                    return set;
+                }
+                set = (int) (word >>> NEXT_SHIFT) - 1;
+            }
+            return -1;
+        }
+
+        /** What a variable is set to in the walk at hand. */
+        long settingNow(int variable) {
+            int set = settingOf(variable);
+            return set < 0 ? NOT_SET : sets.get(2 * set + 1);
+        }
+
+        /** What the part of a call at a place came to in the walk at hand, at its end; 0 if it is none of it. */
+        long partNow(int place) {
+            for (int i = levelCount - 1; i >= firstLevel; i--) {
+                long level = wordAt(levels, 2 * i);
+                long noted = wordAt(levels, 2 * i + 1);
+                int first = (int) (noted >>> 32);
+                int count = (int) (level >>> 32) - first;
+                if (((int) level & TAG_MASK) == CALL && place >= first && place < first + count) {
+                    return parts.get((int) noted + place - first);
+                }
+            }
+            return 0;
+        }
+
+        // ---- what is kept
+
+        private static int rowOf(int sort, long start, long tests) {
+            int hash = ((int) start * 31 + (int) (start >>> 32)) * 0x9E3779B1 + sort;
+            hash = (hash + (int) tests * 0x2C1B3C6D + (int) (tests >>> 32) * 0x7FEB352D) * 0x85EBCA6B;
+            return (hash ^ hash >>> 15) * 0x2C1B3C6D >>> INDEX_SHIFT;
+        }
+
+        private static int ringOf(int sort) {
+            return sort == TESTS ? 1 : 0;
+        }
+
+        private long ringWord(int ring, long place) {
+            long[] words = rings[ring & 1];
+            return wordAt(words, (int) place & words.length - 1);
+        }
+
+        private void putRing(int ring, long place, long word) {
+            long[] words = rings[ring & 1];
+            putWord(words, (int) place & words.length - 1, word);
+        }
+
+        /** Where what is kept of this begins; -1 if nothing is. */
+        long kept(int sort, long start, long tests) {
+            int ring = ringOf(sort);
+            long place = wordAt(rings[PLACES + (ring & 1)], rowOf(sort, start, tests)) - 1;
+            boolean isThere = place >= 0
+                    && place + rings[ring & 1].length >= wordAt(rings[WRITTEN], ring)
+                    && ringWord(ring, place) == (start << 2 | sort)
+                    && ringWord(ring, place + 1) == tests;
+            return isThere ? place : -1;
+        }
+
+        /** Begins to keep something of so many words; where it is, or -1 if it is too much. */
+        private long keep(int sort, long start, long tests, int words) {
+            int ring = ringOf(sort);
+            int all = words + HEAD_WORDS;
+            long[] row = rings[ring & 1];
+            if (row.length < MOST_RING && wordAt(rings[WRITTEN], ring) + all > row.length) {
+                int length = row.length;
+                for (int i = 0; i < 10 && length < MOST_RING && length < 4L * row.length + 4L * all; i++) {
+                    length *= 2;
+                }
+                rings[ring & 1] = new long[length];
+                rings[PLACES + (ring & 1)] = new long[INDEX];
+                putWord(rings[WRITTEN], ring, 0);
+            }
+            if (all > rings[ring & 1].length / 2) {
+                return -1;
+            }
+            long place = wordAt(rings[WRITTEN], ring);
+            putRing(ring, place, start << 2 | sort);
+            putRing(ring, place + 1, tests);
+            putRing(ring, place + 2, words);
+            putWord(rings[WRITTEN], ring, place + all);
+            putWord(rings[PLACES + (ring & 1)], rowOf(sort, start, tests), place + 1);
+            return place;
+        }
+
+        /** Keeps what variables are set to in the walk at hand. */
+        void keepSets(long start, long tests) {
+            int count = setCount - firstSet;
+            int size = count == 0 ? 0 : 1;
+            for (int i = 0; i < 30 && size < count + count / 4; i++) {
+                size *= 2;
+            }
+            long place = keep(SETS, start, tests, 2 * size);
+            for (int i = 0; i < 2 * size && place >= 0; i++) {
+                putRing(0, place + HEAD_WORDS + i, 0);
+            }
+            for (int i = firstSet; i < setCount && place >= 0; i++) {
+                int variable = (int) sets.get(2 * i) & VARIABLE_BITS;
+                int row = variable * 0x9E3779B1 >>> 8 & size - 1;
+                for (int j = 0; j < size && ringWord(0, place + HEAD_WORDS + 2 * row) != 0; j++) {
+                    row = row + 1 & size - 1;
+                }
+                putRing(0, place + HEAD_WORDS + 2 * row, variable + 1);
+                putRing(0, place + HEAD_WORDS + 2 * row + 1, sets.get(2 * i + 1));
+            }
+        }
+
+        /** What a variable is set to, by what is kept. */
+        long keptSetting(long place, int variable) {
+            int size = (int) ringWord(0, place + 2) / 2;
+            int row = variable * 0x9E3779B1 >>> 8 & size - 1;
+            for (int i = 0; i < size; i++) {
+                long found = ringWord(0, place + HEAD_WORDS + 2 * row);
+                if (found == variable + 1) {
+                    return ringWord(0, place + HEAD_WORDS + 2 * row + 1);
+                }
+                if (found == 0) {
+                    return NOT_SET;
+                }
+                row = row + 1 & size - 1;
+            }
+            return NOT_SET;
+        }
+
+        /** Keeps the parts of the calls that are open at the end of the walk at hand. */
+        void keepParts(long start, long tests) {
+            int calls = 0;
+            int words = 0;
+            for (int i = firstLevel; i < levelCount; i++) {
+                long level = wordAt(levels, 2 * i);
+                boolean isCall = ((int) level & TAG_MASK) == CALL;
+                calls += isCall ? 1 : 0;
+                words += isCall ? (int) (level >>> 32) - (int) (wordAt(levels, 2 * i + 1) >>> 32) : 0;
+            }
+            long place = keep(PARTS, start, tests, 1 + calls + words);
+            if (place < 0) {
+                return;
+            }
+            putRing(0, place + HEAD_WORDS, calls);
+            long call = place + HEAD_WORDS + 1;
+            long next = call + calls;
+            for (int i = firstLevel; i < levelCount; i++) {
+                long level = wordAt(levels, 2 * i);
+                long noted = wordAt(levels, 2 * i + 1);
+                int first = (int) (noted >>> 32);
+                int count = (int) (level >>> 32) - first;
+                if (((int) level & TAG_MASK) == CALL) {
+                    putRing(0, call, first | (long) count << 32);
+                    call++;
+                    for (int j = 0; j < count; j++) {
+                        putRing(0, next, parts.get((int) noted + j));
+                        next++;
+                    }
+                }
+            }
+        }
+
+        /** What the part of a call at a place came to, by what is kept; 0 if it is none of it. */
+        long keptPart(long kept, int place) {
+            int calls = (int) ringWord(0, kept + HEAD_WORDS);
+            long next = kept + HEAD_WORDS + 1 + calls;
+            for (int i = 0; i < calls; i++) {
+                long call = ringWord(0, kept + HEAD_WORDS + 1 + i);
+                int first = (int) call;
+                int count = (int) (call >>> 32);
+                if (place >= first && place < first + count) {
+                    return ringWord(0, next + place - first);
+                }
+                next += count;
+            }
+            return 0;
+        }
+
+        /** Keeps tests of a segment that were not known. */
+        void keepTests(long start, Area row, int first, int count) {
+            int words = count + 63 >> 6;
+            long place = keep(TESTS, start, 0, words + 1);
+            if (place >= 0) {
+                putRing(1, place + HEAD_WORDS, count);
+                for (int i = 0; i < words; i++) {
+                    putRing(1, place + HEAD_WORDS + 1 + i, row.get(first + i));
+                }
+            }
+        }
+
+        /** Lets tests that are kept be at hand; how many there are. */
+        int loadTests(long kept) {
+            int count = (int) ringWord(1, kept + HEAD_WORDS);
+            int words = count + 63 >> 6;
+            for (int i = 0; i < words; i++) {
+                history.loadWord(count, i, ringWord(1, kept + HEAD_WORDS + 1 + i));
+            }
+            return count;
+        }
+    }
+
+    /**
+     * Finds what parts of calls, variables and arguments came to, by the code and by what variables were then, in steps.
      *
-     * <p>A segment of an interval is named by END, START, or by what waited in one that was passed, and 1.
+     * <p>What a variable was ahead of an interval leads to the last one in which it was set, where a walk tells what it was set
+     * to: a value, or what another variable was ahead of that, and so on; or to the argument that it was bound to, so to a part
+     * of a call, which is a value or a variable again: one task, without a stack. Only for a test that is not known there is a
+     * task within a task; if they are too many, the innermost one is done by itself first. What was found is known for a
+     * while, for some steps on the way, too.
      */
     private static final class Finder {
-        private static final int ARGUMENTS = -1; // in place of a segment: the arguments of an activation
-        private static final int VARIABLES = -2; // the variables of an environment as they are now
-        private static final int TAILS = -3; // what is left of the list of arguments of an activation
-        private static final int SEGMENT_BITS = 20;
-        private static final int LEAST_SEGMENT = 4;
-        // What a task knows: the part that is looked at, how far it is.
-        private static final int INTERVAL = 0;
-        private static final int SEGMENT = 1;
-        private static final int PLACE = 2;
-        private static final int STAGE = 3;
-        // The variable that is looked for, the interval at hand and what is next in it, the one from which on none is looked at.
-        private static final int TARGET = 4;
-        private static final int TARGET_PLACE = 5;
-        private static final int LOOKED = 6;
-        private static final int NEXT = 7;
-        private static final int CEILING = 8;
-        // What is looked through, what for, what waited in the segment at hand, and how far: in which segment, up to what place.
-        private static final int SCANNED = 9;
-        private static final int PURPOSE = 10;
-        private static final int WAITED = 11;
-        private static final int LIMIT_WAITED = 12;
-        private static final int LIMIT = 13;
-        // The form at hand, how many tests were ahead, in which segment and where the variable was set at last, how far out it
-        // is, which form was the last one of the body.
-        private static final int FORM = 14;
-        private static final int FORM_PLACE = 15;
-        private static final int TESTS_SEEN = 16;
-        private static final int LAST_WAITED = 17;
-        private static final int LAST = 18;
-        private static final int DEPTH = 19;
-        private static final int LAST_FORM = 20;
-        // What the task is for; where its levels and marks begin; how many parts led to this one; what a test came to.
-        private static final int KEY_INTERVAL = 21;
-        private static final int KEY_SEGMENT = 22;
-        private static final int KEY_PLACE = 23;
-        private static final int BOTTOM = 24;
-        private static final int FIRST_MARK = 25;
-        private static final int LINKS = 26;
+        // What is looked for: a part of a call at a place that was open at the end of an interval; a variable ahead of an
+        // interval; one of the arguments of an activation. Known besides: what a variable was behind an interval, what is left
+        // of a list of arguments, what tests of bodies that were passed came to.
+        private static final int PART = 1;
+        private static final int VARIABLE = 2;
+        private static final int ARGUMENT = 3;
+        private static final int BEHIND = 4;
+        private static final int TAIL = 5;
+        private static final int TEST = 6;
+        private static final int KIND_BITS = 3;
+        private static final int SECOND_SHIFT = 22;
+        private static final int THIRD_SHIFT = 43;
+        // What a task knows: what it is for.
+        private static final int KIND = 0;
+        private static final int FIRST = 1;
+        private static final int SECOND = 2;
+        private static final int THIRD = 3;
+        private static final int FROM = 4;
+        private static final int BOUND = 5;
+        private static final int TESTED = 6; // the interval of a test that it is for; or 0
+        private static final int TEST_SEEN = 7;
+        private static final int TEST_SEGMENT = 8;
+        private static final int ROOTS = 9;
+        // How far it is: the variable that is looked for, or 0 and the place of a part; in which interval, what is next there,
+        // up to which of the bodies passed; ahead of which interval the search began, whether this one is looked at anew.
+        private static final int STAGE = 9;
+        private static final int ENVIRONMENT = 10;
+        private static final int PLACE = 11;
+        private static final int LOOKED = 12;
+        private static final int NEXT = 13;
+        private static final int LIMIT = 14;
+        private static final int CEILING = 15;
+        private static final int FRESH = 16;
+        private static final int FIRST_MARK = 17;
+        private static final int LINKS = 18; // steps up to now
+        // The walk at hand: segment, what for; what walks around have; tests up to now, whether they are known, where they are.
+        private static final int SEGMENT = 19;
+        private static final int PURPOSE = 20;
+        private static final int LEVELS_BELOW = 21;
+        private static final int PARTS_BELOW = 22;
+        private static final int SETS_BELOW = 23;
+        private static final int SEEN = 24;
+        private static final int TESTS = 25;
+        private static final int BITS = 26;
         private static final int OUTCOME = 27;
-        private static final int WALKED = 28; // all settings are noted on the way
-        private static final int WAY = 29; // the way at hand is that of the segment that is looked through
-        private static final int TASK = 30;
+        // Through bodies that were passed: what waited for the one at hand, which one it is; of which body the last setting
+        // is, and the value that the one at hand went on with.
+        private static final int FRAME = 28;
+        private static final int BODY = 29;
+        private static final int HIT_BODY = 30;
+        private static final int CARRIED_BODY = 31;
+        private static final int TEST_ENVIRONMENT = 32; // the variable of a test, up to which of the bodies passed
+        private static final int TEST_PLACE = 33;
+        private static final int TEST_LIMIT = 34;
+        private static final int IS_SET = 35; // what a walk told is what the variable is set to
+        private static final int TASK = 36;
+        private static final int HIT = 0;
+        private static final int CARRIED = 1;
+        private static final int TOLD = 2; // by a walk
+        private static final int TASK_WORDS = 3;
         // Stages.
         private static final int AT_PART = 0;
-        private static final int AT_CHOICE = 1;
-        private static final int AT_SEARCH = 2;
-        private static final int AT_SEGMENT = 3;
-        private static final int AT_SCAN = 4;
-        private static final int AT_SCAN_CHOICE = 5;
-        private static final int AT_WAY = 6;
-        private static final int AT_REST = 7;
-        private static final int AT_VARIABLE = 8;
-        private static final int AT_TEST = 9;
+        private static final int AT_VARIABLE = 1;
+        private static final int AT_ARGUMENT = 2;
+        private static final int AT_BEGIN = 3;
+        private static final int AT_WALK = 4;
+        private static final int AT_TEST = 5;
+        private static final int AT_REST = 6;
+        private static final int AT_WITHIN = 7;
+        private static final int AT_TOLD = 8;
         // What is next in an interval: its END, what was passed, its START, an interval before.
         private static final int FROM_END = 0;
         private static final int FROM_PASSED = 1;
         private static final int FROM_START = 2;
         private static final int BEFORE = 3;
-        // What segments are looked through for: a setting, which part of a test is chosen, the value that one goes on with.
-        private static final int SETTING = 0;
-        private static final int CHOICE = 1;
-        private static final int GIFT = 2;
-        private static final int GLOBAL_DEPTH = 127;
+        private static final int ALL = 1 << 30;
         private static final int NONE = -1;
-        private static final int MOST_TASKS = 400;
+        private static final long OF_INTERVAL = 1L << 51; // in place of the key of tests
+        private static final int MOST_TASKS = 64;
+        private static final int STEP_OF_PENDING = 8;
         private static final int MOST_PENDING = 12000;
-        private static final int MOST_LEVELS = 1 << 14;
-        private static final int MOST_MARKS = 3 << 10;
+        private static final int MOST_MARKS = 2048;
         private static final int LEAST_TABLE = 256;
-        private static final int MOST_KNOWN = 1 << 16;
+        private static final int MOST_KNOWN = 1 << 17;
         private static final int MOST_PASSES = 1 << 14;
-        private static final int MOST_WAYS = 1 << 14;
+        private static final int MOST_SCRATCH = 600; // blocks
+        private static final int FEW_SCRATCH = 32;
         private static final int TAIL_STEP = 32;
-        private static final long NOT_SET = 1; // no value
 
         private final Store store;
         private final History history;
         private final Settings settings;
+        private final Walker walker;
         private final int[] tasks;
+        private final long[] words; // of tasks
         private int depth; // how many of them there are
-        private final int[] levels; // of tasks: slot and cursor of each form that waits
-        private int levelsUsed;
-        private final int[] marks; // parts on the way to one, which come to the same
+        private final long[] marks; // what comes to the same as tasks
         private int marksUsed;
         private final int[] pending; // what is still to be looked for behind what the tasks are for
         private int pendingUsed;
+        private final Area bits; // of tests that were not known
+        private int bitsUsed; // words
         int wanted; // the program that must be expanded first; or 0
         private long answer; // what was found at last
         private long answerKey;
         private long asked; // what is to be found; or 0
-        private long[] known; // for a part of a segment
+        private long[] known;
         private long[] passes; // for a variable: in which interval it was set at last ahead of another one
-        private long[] ways; // for a way through code: where a variable was set at last in it, or which part was chosen
-        private final long[] way; // the one at hand: where it begins, how far it goes, how far out the variable is; tests
         private int forgotten; // of what was known, since there were so many entries
 
-        Finder(Store store, History history, Settings settings) {
+        Finder(Area room, Store store, History history, Settings settings) {
             this.store = store;
             this.history = history;
             this.settings = settings;
+            walker = new Walker(room, store, history);
             tasks = new int[TASK * (MOST_TASKS + 1)];
-            levels = new int[MOST_LEVELS];
-            marks = new int[MOST_MARKS];
+            words = new long[TASK_WORDS * (MOST_TASKS + 1)];
+            marks = new long[MOST_MARKS];
             pending = new int[MOST_PENDING];
+            bits = new Area(room, MOST_BLOCKS);
             known = new long[LEAST_TABLE];
             passes = new long[LEAST_TABLE];
-            ways = new long[LEAST_TABLE];
-            way = new long[2];
         }
 
         // ---- what is asked for
 
-        /** What a part of a segment came to; 0 if it is being looked for. */
-        long partOf(int interval, int segment, int place) {
-            long key = keyOf(interval, segment, place);
+        private static long keyOf(int kind, int first, int second, int third) {
+            return kind | (long) first << KIND_BITS | (long) second << SECOND_SHIFT | (long) third << THIRD_SHIFT;
+        }
+
+        private long ask(long key) {
             if (answer != 0 && answerKey == key) {
                 return answer;
             }
@@ -3582,9 +4312,18 @@ public final class WindwardScheme {
             return 0;
         }
 
-        /** What a variable is; 0 if it is being looked for. */
-        long variableNow(int environment, int place) {
-            return partOf(environment, VARIABLES, place);
+        /** What the part of a call at a place came to in what waits; 0 if it is being looked for. */
+        long partOf(int frame, int place) {
+            return ask(keyOf(PART, frame, place, 0));
+        }
+
+        /** What a variable was ahead of the interval at hand, as far as its settings are not known; 0 if it is looked for. */
+        long variableAhead(int environment, int place) {
+            return ask(keyOf(VARIABLE, environment, place, history.now));
+        }
+
+        private long argumentOf(int activation, int index) {
+            return ask(keyOf(ARGUMENT, activation, index, 0));
         }
 
         /** Forgets what was found at last. */
@@ -3604,20 +4343,27 @@ public final class WindwardScheme {
 
         void drop() {
             asked = 0;
-            depth = 0;
-            levelsUsed = 0;
-            marksUsed = 0;
             pendingUsed = 0;
             wanted = 0;
+            dropTasks();
+            if (walker.blocks() > 0) {
+                walker.release();
+                bits.release();
+            }
+        }
+
+        private void dropTasks() {
+            depth = 0;
+            marksUsed = 0;
+            bitsUsed = 0;
+            walker.cut(0, 0, 0);
         }
 
         /** Goes on with looking, until it is found, or a program is wanted. */
         void goOn() {
-            growTables();
+            growPasses();
             if (asked != 0) {
-                int segment = (int) (asked >>> INTERVAL_BITS) & (1 << SEGMENT_BITS) - 1;
-                beginTask((int) asked & INTERVAL_MASK, segment - LEAST_SEGMENT, (int) (asked >>> INTERVAL_BITS + SEGMENT_BITS));
-                asked = 0;
+                beginAsked();
             }
             for (long i = 0; i < MAX_TURNS && depth > 0 && wanted == 0; i++) {
                 long found = 0;
@@ -3625,41 +4371,53 @@ public final class WindwardScheme {
                     growKnown();
                 }
                 switch (noted(STAGE)) {
+                    case AT_WITHIN:
+                        beginWithin();
+                        break;
+                    case AT_TOLD:
+                        found = take();
+                        break;
                     case AT_PART:
-                        found = noted(SEGMENT) == ARGUMENTS ? lookAtArgument() : lookAtPart();
-                        break;
-                    case AT_SEARCH:
-                        found = search();
-                        break;
-                    case AT_WAY:
-                        lookForWay();
-                        break;
-                    case AT_TEST:
-                        note(STAGE, AT_CHOICE);
-                        beginTest(noted(INTERVAL), noted(SEGMENT), noted(LIMIT));
+                        found = lookAtPart();
                         break;
                     case AT_VARIABLE:
-                        note(INTERVAL, history.now);
-                        note(SEGMENT, History.END);
-                        note(PLACE, 0);
-                        beginSearch(noted(KEY_INTERVAL), noted(KEY_PLACE));
+                        found = noted(NEXT) == BEFORE ? lookEarlier() : lookInto(noted(NEXT));
+                        break;
+                    case AT_ARGUMENT:
+                        found = lookAtArgument();
+                        break;
+                    case AT_BEGIN:
+                        beginWalk();
+                        break;
+                    case AT_TEST:
+                        goOnWithWalk();
                         break;
                     case AT_REST:
-                        int activation = noted(INTERVAL);
-                        found = view(activation, noted(PLACE), countOfArguments(activation));
-                        break;
-                    case AT_SEGMENT:
-                        openSegment();
-                        break;
-                    case AT_SCAN:
-                        found = scan();
+                        found = view(noted(LOOKED), noted(PLACE), countOfArguments(noted(LOOKED)));
                         break;
                     default:
-                        choose();
+                        if (walker.work() == Walker.TESTED) {
+                            lookAtTest();
+                        } else if (noted(SEGMENT) == History.PASSED) {
+                            found = endBody();
+                        } else {
+                            endWalk();
+                        }
                 }
                 if (found != 0) {
                     endTask(found);
                 }
+                if (depth == 0 && pendingUsed >= ROOTS) {
+                    beginPending();
+                }
+            }
+            if (walker.blocks() > FEW_SCRATCH && depth == 0) {
+                walker.release();
+            } else if (walker.blocks() > MOST_SCRATCH && wanted != 0) {
+                // The program may need the room.
+                putOff();
+                walker.release();
+                beginPending();
             }
         }
 
@@ -3677,103 +4435,120 @@ public final class WindwardScheme {
             }
         }
 
-        private void beginTask(int interval, int segment, int place) {
-            if (depth >= MOST_TASKS || levelsUsed > MOST_LEVELS - 4 * LEVELS || marksUsed > MOST_MARKS - 2 * LEVELS) {
-                putOff();
-            }
+        private long notedWord(int which) {
+            return wordAt(words, (depth - 1) * TASK_WORDS + which);
+        }
+
+        private void noteWord(int which, long word) {
+            putWord(words, (depth - 1) * TASK_WORDS + which, word);
+        }
+
+        private void beginAsked() {
+            int kind = (int) asked & (1 << KIND_BITS) - 1;
+            int first = (int) (asked >>> KIND_BITS) & INTERVAL_MASK;
+            int second = (int) (asked >>> SECOND_SHIFT) & OFFSET_MASK;
+            int third = (int) (asked >>> THIRD_SHIFT);
+            boolean isPassed = kind == VARIABLE && settings.base() >= 0;
+            asked = 0;
+            beginTask(kind, first, second, third, isPassed ? FROM_PASSED : BEFORE, settings.base());
+        }
+
+        /** Begins with a task; where it looks for a variable, from what is next in an interval on. */
+        private void beginTask(int kind, int first, int second, int third, int from, int bound) {
             depth++;
             for (int i = 0; i < TASK; i++) {
                 note(i, 0);
             }
-            note(KEY_INTERVAL, interval);
-            note(KEY_SEGMENT, segment);
-            note(KEY_PLACE, place);
-            note(BOTTOM, levelsUsed);
+            note(KIND, kind);
+            note(FIRST, first);
+            note(SECOND, second);
+            note(THIRD, third);
+            note(FROM, from);
+            note(BOUND, bound);
             note(FIRST_MARK, marksUsed);
-            note(INTERVAL, interval);
-            note(SEGMENT, segment);
-            note(PLACE, place);
-            note(STAGE, segment == VARIABLES ? AT_VARIABLE : AT_PART);
-        }
-
-        /** Looks for what a test came to, by a task of its own if that is not known. */
-        private void beginTest(int interval, int segment, int place) {
-            long found = knownPart(interval, segment, place);
-            if (found != 0) {
-                note(OUTCOME, found == FALSE ? 0 : 1);
-            } else {
-                beginTask(interval, segment, place);
+            note(LOOKED, kind == VARIABLE ? third : first);
+            note(PLACE, second);
+            note(STAGE, kind == PART ? AT_PART : kind == ARGUMENT ? AT_ARGUMENT : AT_VARIABLE);
+            if (kind == VARIABLE) {
+                lookFor(first, second, from, bound);
             }
         }
 
-        /** Gives up the outer half of the tasks; what they are for is looked for later, from the beginning. */
+        /** Looks for the variable of a test within a task. If there are too many, only some of them are begun again later. */
+        private void beginWithin() {
+            int interval = noted(LOOKED);
+            int segment = noted(SEGMENT);
+            int seen = noted(SEEN);
+            int environment = noted(TEST_ENVIRONMENT);
+            int place = noted(TEST_PLACE);
+            int limit = noted(TEST_LIMIT);
+            boolean isPlain = (history.flagsOf(interval) & (History.PASSED_SET | History.START_SET)) == 0;
+            int from = isPlain || segment == History.START ? BEFORE : FROM_PASSED;
+            bitsUsed = noted(BITS) + (seen + 63 >> 6);
+            note(STAGE, AT_TEST);
+            if (depth >= MOST_TASKS || walker.blocks() > MOST_SCRATCH || marksUsed > MOST_MARKS - LEVELS) {
+                putOff();
+            }
+            beginTask(VARIABLE, environment, place, interval, from, limit);
+            note(TESTED, interval);
+            note(TEST_SEEN, seen);
+            note(TEST_SEGMENT, segment);
+        }
+
+        /** Gives up all tasks; some of them are begun again later, the innermost one first. */
         private void putOff() {
-            int all = depth;
-            int dropped = (depth + 1) / 2;
-            depth = 1;
-            put(pending, pendingUsed, noted(KEY_INTERVAL));
-            put(pending, pendingUsed + 1, noted(KEY_SEGMENT));
-            put(pending, pendingUsed + 2, noted(KEY_PLACE));
-            pendingUsed = Math.min(pendingUsed + 3, MOST_PENDING);
-            depth = dropped + 1;
-            int bottom = dropped < all ? noted(BOTTOM) : levelsUsed;
-            int first = dropped < all ? noted(FIRST_MARK) : marksUsed;
-            for (int i = 0; i < (all - dropped) * TASK; i++) {
-                put(tasks, i, at(tasks, i + dropped * TASK));
+            for (int i = 0; i < depth; i += STEP_OF_PENDING) {
+                for (int j = 0; j < ROOTS && pendingUsed < MOST_PENDING; j++) {
+                    put(pending, pendingUsed + j, at(tasks, i * TASK + j));
+                }
+                pendingUsed = Math.min(pendingUsed + ROOTS, MOST_PENDING);
             }
-            for (int i = bottom; i < levelsUsed; i++) {
-                put(levels, i - bottom, at(levels, i));
-            }
-            for (int i = first; i < marksUsed; i++) {
-                put(marks, i - first, at(marks, i));
-            }
-            levelsUsed -= bottom;
-            marksUsed -= first;
-            for (depth = 1; depth <= all - dropped; depth++) {
-                note(BOTTOM, noted(BOTTOM) - bottom);
-                note(FIRST_MARK, noted(FIRST_MARK) - first);
-            }
-            depth = all - dropped;
+            dropTasks();
+        }
+
+        private void beginPending() {
+            pendingUsed -= ROOTS;
+            int kind = at(pending, pendingUsed + KIND);
+            int from = at(pending, pendingUsed + FROM);
+            int bound = at(pending, pendingUsed + BOUND);
+            int third = at(pending, pendingUsed + THIRD);
+            beginTask(kind, at(pending, pendingUsed + FIRST), at(pending, pendingUsed + SECOND), third, from, bound);
+            note(TESTED, at(pending, pendingUsed + TESTED));
+            note(TEST_SEEN, at(pending, pendingUsed + TEST_SEEN));
+            note(TEST_SEGMENT, at(pending, pendingUsed + TEST_SEGMENT));
         }
 
         private void endTask(long found) {
             int first = noted(FIRST_MARK);
-            for (int i = first; i < marksUsed; i += 3) {
-                know(at(marks, i), at(marks, i + 1), at(marks, i + 2), found);
+            for (int i = first; i < marksUsed; i++) {
+                know(wordAt(marks, i), found);
             }
-            int interval = noted(KEY_INTERVAL);
-            int segment = noted(KEY_SEGMENT);
-            int place = noted(KEY_PLACE);
-            if (segment != VARIABLES) {
-                know(interval, segment, place, found);
+            int kind = noted(KIND);
+            long key = keyOf(kind, noted(FIRST), noted(SECOND), noted(THIRD));
+            if (kind != VARIABLE || noted(FROM) == BEFORE) {
+                know(key, found);
+            }
+            if (depth == 1 && noted(TESTED) != 0) {
+                // The walk that it is for is begun again later.
+                know(keyOf(TEST, noted(TESTED), noted(TEST_SEEN), noted(TEST_SEGMENT)), found == FALSE ? FALSE : TRUE);
             }
             marksUsed = first;
-            levelsUsed = noted(BOTTOM);
             depth--;
             if (depth > 0) {
                 note(OUTCOME, found == FALSE ? 0 : 1);
-            } else if (pendingUsed >= 3) {
-                pendingUsed -= 3;
-                beginTask(at(pending, pendingUsed), at(pending, pendingUsed + 1), at(pending, pendingUsed + 2));
-            } else {
+            } else if (pendingUsed < ROOTS) {
                 answer = found;
-                answerKey = keyOf(interval, segment, place);
+                answerKey = key;
             }
         }
 
-        /** Lets the task look at another part, which comes to the same. */
-        private void follow(int interval, int segment, int place) {
-            note(INTERVAL, interval);
-            note(SEGMENT, segment);
-            note(PLACE, place);
-            note(STAGE, AT_PART);
+        /** Counts a step on the way; what comes to the same as the task is known behind some of them. */
+        private void mark(long key) {
             int links = noted(LINKS) + 1;
             note(LINKS, links);
-            if ((links & links - 1) == 0) {
-                put(marks, marksUsed, interval);
-                put(marks, marksUsed + 1, segment);
-                put(marks, marksUsed + 2, place);
-                marksUsed = Math.min(marksUsed + 3, MOST_MARKS);
+            if ((links & links - 1) == 0 && marksUsed < MOST_MARKS) {
+                putWord(marks, marksUsed, key);
+                marksUsed++;
             }
         }
 
@@ -3787,53 +4562,62 @@ public final class WindwardScheme {
 
         /** What the part at hand came to; 0 if it is not known yet. */
         private long lookAtPart() {
-            int interval = noted(INTERVAL);
-            int segment = noted(SEGMENT);
+            int interval = noted(LOOKED);
             int place = noted(PLACE);
-            long found = knownPart(interval, segment, place);
-            if (found != 0) {
-                return found;
+            long found = knownFor(keyOf(PART, interval, place, 0));
+            int waited = history.waitedOf(interval);
+            if (found != 0 || waited != 0 && place == history.placeOf(waited)) {
+                return found != 0 ? found : history.giftOf(interval);
             }
-            int waited = history.waitedOf(interval, segment);
-            int act = history.actOf(interval, segment);
+            int act = history.actOf(interval, History.END);
             int program = history.programOf(act);
             if (!isLoaded(program)) {
                 return 0;
             }
-            if (waited != 0 && place == history.placeOf(waited)) {
-                return giftOf(interval, segment);
-            }
             int slot = store.word(program, place);
             int content = slot >>> SLOT_SHIFT;
             int tag = slot & TAG_MASK;
-            if (slot == 0) {
-                return NOTHING;
-            } else if (tag == CONSTANT) {
+            if (tag == CONSTANT) {
                 return store.valueOf(content);
             } else if (tag == QUOTATION) {
                 return store.plainValue(program, content);
             } else if (waited != 0 && isEarlier(program, waited, place)) {
-                follow(waited, History.END, place);
+                note(LOOKED, waited);
+                mark(keyOf(PART, waited, place, 0));
+                return 0;
+            } else if (tag == OTHER) {
+                boolean isLambda = store.word(program, content) == LAMBDA;
+                return isLambda ? closure(content, act, interval) : NOTHING;
+            }
+            boolean isVariable = tag == LOCAL || tag == GLOBAL;
+            note(SEGMENT, History.END);
+            if (isVariable && (history.flagsOf(interval) & History.END_SET) == 0) {
+                int out = tag == LOCAL ? slot >>> DEPTH_OUT_SHIFT : Walker.GLOBAL_OUT;
+                takeLater(Walker.AHEAD | (long) (content & VARIABLE_MASK | out << Walker.OUT_SHIFT) << Walker.CONTENT_SHIFT);
                 return 0;
             }
-            switch (tag) {
-                case LOCAL:
-                    return lookAtVariable(act, slot);
-                case GLOBAL:
-                    beginSearch(0, content);
-                    return 0;
-                case SEQUENCE:
-                    note(PLACE, lastOf(program, content));
-                    return 0;
-                case BRANCH:
-                    beginChoice(program, waited, content);
-                    return 0;
-                case OTHER:
-                    boolean isLambda = store.word(program, content) == LAMBDA;
-                    return isLambda ? closure(content, act, interval) : NOTHING;
-                default:
-                    return NOTHING;
+            long kept = walker.kept(Walker.PARTS, startOf(interval, History.END), testsOf(interval, History.END));
+            if (kept >= 0) {
+                takeLater(walker.keptPart(kept, place));
+                return 0;
             }
+            note(PURPOSE, Walker.PARTS);
+            note(STAGE, AT_BEGIN);
+            return 0;
+        }
+
+        /** Whether a place is that of a part of a call that came ahead of where a segment went on. */
+        private boolean isEarlier(int program, int waited, int place) {
+            int content = store.word(program, history.placeOf(waited)) >>> SLOT_SHIFT;
+            for (int i = 0; i < MAX_LEVEL && content != 0; i++) {
+                int around = store.word(program, content - 2);
+                int inside = store.word(program, content - 1) & INDEX_MASK;
+                content = around >>> SLOT_SHIFT;
+                if (around != 0 && (around & TAG_MASK) == CALL && place >= content && place < content + inside) {
+                    return true;
+                }
+            }
+            return false;
         }
 
         static long closure(int offset, int act, int interval) {
@@ -3843,120 +4627,75 @@ public final class WindwardScheme {
                     | (long) interval << VALUE_BITS + OFFSET_BITS + INTERVAL_BITS;
         }
 
-        /** Whether a place is that of a part of a call that came ahead of where a segment went on. */
-        private boolean isEarlier(int program, int waited, int place) {
-            int content = store.word(program, history.placeOf(waited)) >>> SLOT_SHIFT;
-            for (int i = 0; i < MAX_LEVEL && content != 0; i++) {
-                int around = store.word(program, content - 2);
-                int index = store.word(program, content - 1) & INDEX_MASK;
-                content = around >>> SLOT_SHIFT;
-                if (around != 0 && (around & TAG_MASK) == CALL && place >= content && place < content + index) {
-                    return true;
-                }
-            }
-            return false;
+        /** Goes on with what a walk told. */
+        private void takeLater(long word) {
+            noteWord(TOLD, word);
+            note(IS_SET, 0);
+            note(STAGE, AT_TOLD);
         }
 
-        private int lastOf(int program, int content) {
-            int last = content;
-            for (int i = 0; i < MAX_SIZE && store.word(program, last + 1) != 0; i++) {
-                last++;
+        /** What a walk through a segment told; 0 if a variable is looked for now. */
+        private long take() {
+            long word = notedWord(TOLD);
+            if (noted(IS_SET) != 0) {
+                noteSet();
             }
-            return last;
+            if ((word & VALUE_MASK) != 0) {
+                return word;
+            }
+            int interval = noted(LOOKED);
+            int segment = noted(SEGMENT);
+            int content = (int) (word >>> Walker.CONTENT_SHIFT);
+            switch ((int) word & Walker.SORT_MASK) {
+                case Walker.GIFT:
+                    return history.giftOf(interval);
+                case Walker.MADE:
+                    return closure(content, history.actOf(interval, segment), interval);
+                case Walker.AHEAD:
+                    int environment = environmentOf(history.actOf(interval, segment), content >>> Walker.OUT_SHIFT);
+                    lookFor(environment, content & VARIABLE_MASK, segment == History.END ? FROM_PASSED : BEFORE, ALL);
+                    return 0;
+                default:
+                    return NOTHING;
+            }
         }
 
-        private long lookAtVariable(int act, int slot) {
-            int environment = history.environmentOf(act);
-            for (int i = slot >>> DEPTH_OUT_SHIFT; i > 0; i--) {
-                environment = history.around(environment);
-            }
-            int place = slot >> SLOT_SHIFT & VARIABLE_MASK;
-            if (history.isSetSomewhere(environment, place)) {
-                beginSearch(environment, place);
+        /** The environment that is so far out of where a body is evaluated. */
+        private int environmentOf(int act, int out) {
+            if (out == Walker.GLOBAL_OUT) {
                 return 0;
             }
-            beginArgument(environment, place);
-            return 0;
+            int environment = history.environmentOf(act);
+            for (int i = 0; i < out; i++) {
+                environment = history.around(environment);
+            }
+            return environment;
         }
 
-        /** Goes on to which part of a test was chosen. */
-        private void beginChoice(int program, int waited, int content) {
-            int segment = noted(SEGMENT);
-            int inside = waited == 0 ? -1 : indexWithin(program, waited, content);
-            int scanned = Math.min(segment, History.PASSED);
-            if (inside > 0) {
-                note(PLACE, content + inside);
-            } else if (history.countOfTests(noted(INTERVAL), scanned) < 0) {
-                note(LIMIT, content);
-                note(STAGE, AT_TEST);
-            } else {
-                note(LOOKED, noted(INTERVAL));
-                note(LIMIT, content);
-                note(LIMIT_WAITED, segment >= History.PASSED ? segment - 1 : 0);
-                beginScan(scanned, CHOICE);
+        /** Goes on to a variable, from what is next in the interval at hand on. */
+        private void lookFor(int environment, int place, int next, int limit) {
+            note(ENVIRONMENT, environment);
+            note(PLACE, place);
+            note(NEXT, next);
+            note(LIMIT, limit);
+            note(CEILING, 0);
+            note(FRESH, 0);
+            note(STAGE, AT_VARIABLE);
+            if (environment != 0 && !history.isSetSomewhere(environment, place)) {
+                note(LOOKED, environment);
+                note(PLACE, place & REST - 1);
+                note(STAGE, (place & REST) == 0 ? AT_ARGUMENT : AT_REST);
             }
         }
 
-        /** In which part of a form that has its slots at a place a segment went on; -1 if it began outside. */
-        private int indexWithin(int program, int waited, int content) {
-            int inner = store.word(program, history.placeOf(waited)) >>> SLOT_SHIFT;
-            for (int i = 0; i < MAX_LEVEL && inner != 0; i++) {
-                int around = store.word(program, inner - 2) >>> SLOT_SHIFT;
-                if (around == content) {
-                    return store.word(program, inner - 1) & INDEX_MASK;
-                }
-                inner = around;
-            }
-            return -1;
-        }
-
-        /** The value with which a segment went on; 0 if it is not known yet. */
-        private long giftOf(int interval, int segment) {
-            if (segment == History.END) {
-                return history.giftOf(interval);
-            }
-            if (segment - 1 == history.firstPassedOf(interval)) {
-                return history.firstGiftOf(interval);
-            }
-            note(LOOKED, interval);
-            note(LIMIT, 0);
-            note(LIMIT_WAITED, segment - 1);
-            beginScan(History.PASSED, GIFT);
-            return 0;
-        }
-
-        /** Goes on behind a test, by what it came to. */
-        private void choose() {
-            if (noted(STAGE) == AT_CHOICE) {
-                int act = history.actOf(noted(INTERVAL), noted(SEGMENT));
-                int program = history.programOf(act);
-                if (isLoaded(program)) {
-                    int content = store.word(program, noted(PLACE)) >>> SLOT_SHIFT;
-                    note(PLACE, content + 2 - noted(OUTCOME));
-                    note(STAGE, AT_PART);
-                }
-            } else {
-                note(STAGE, AT_SCAN);
-                note(TESTS_SEEN, noted(TESTS_SEEN) + 1);
-                int content = at(levels, levelsUsed - 2) >>> SLOT_SHIFT;
-                levelsUsed -= 2;
-                note(FORM, -1);
-                note(FORM_PLACE, content + 2 - noted(OUTCOME));
-            }
+        /** Goes on to what a variable is bound to. */
+        private void lookForArgument(int activation, int place) {
+            note(LOOKED, activation);
+            note(PLACE, place & REST - 1);
+            note(STAGE, (place & REST) == 0 ? AT_ARGUMENT : AT_REST);
         }
 
         // ---- arguments
-
-        /** Goes on to the argument that a variable is bound to. */
-        private void beginArgument(int activation, int place) {
-            if ((place & REST) == 0) {
-                follow(activation, ARGUMENTS, place);
-            } else {
-                note(INTERVAL, activation);
-                note(PLACE, place & REST - 1);
-                note(STAGE, AT_REST);
-            }
-        }
 
         /** The list of the arguments of an activation from one on. */
         static long view(int activation, int index, int count) {
@@ -3989,9 +4728,9 @@ public final class WindwardScheme {
 
         /** What the argument at hand is; 0 if it is not known yet. */
         private long lookAtArgument() {
-            int activation = noted(INTERVAL);
+            int activation = noted(LOOKED);
             int index = noted(PLACE);
-            long found = knownPart(activation, ARGUMENTS, index);
+            long found = knownFor(keyOf(ARGUMENT, activation, index, 0));
             if (found != 0) {
                 return found;
             }
@@ -4011,29 +4750,34 @@ public final class WindwardScheme {
             int program = history.programOf(history.actOf(activation - 1, History.END));
             if (isLoaded(program)) {
                 int call = store.word(program, history.placeOf(activation - 1)) >>> SLOT_SHIFT;
-                follow(activation - 1, History.END, call + 1 + index);
+                note(LOOKED, activation - 1);
+                note(PLACE, call + 1 + index);
+                note(STAGE, AT_PART);
+                mark(keyOf(PART, activation - 1, call + 1 + index, 0));
             }
             return 0;
         }
 
         private long argumentOfList(int activation, long list, int index) {
             int from = index / TAIL_STEP * TAIL_STEP;
-            long tail = knownPart(activation, TAILS, from);
+            long tail = knownFor(keyOf(TAIL, activation, from, 0));
             if (tail == 0 && from > 0) {
                 from -= TAIL_STEP;
-                tail = knownPart(activation, TAILS, from);
+                tail = knownFor(keyOf(TAIL, activation, from, 0));
             }
             from = tail == 0 ? 0 : from;
             tail = tail == 0 ? list : tail;
             int at = from;
             for (; at < index && tail != 0 && tagOf(tail) != VIEW; at++) {
                 if (at % TAIL_STEP == 0) {
-                    know(activation, TAILS, at, tail);
+                    know(keyOf(TAIL, activation, at, 0), tail);
                 }
                 tail = restOf(tail);
             }
             if (tagOf(tail) == VIEW) {
-                follow(activationOf(tail), ARGUMENTS, indexOf(tail) + index - at);
+                note(LOOKED, activationOf(tail));
+                note(PLACE, indexOf(tail) + index - at);
+                mark(keyOf(ARGUMENT, activationOf(tail), indexOf(tail) + index - at, 0));
                 return 0;
             }
             return tail == 0 ? 0 : plainFirst(tail);
@@ -4043,7 +4787,7 @@ public final class WindwardScheme {
 
         /** The first part of a pair; 0 if it is being looked for, or a program is wanted for it. */
         long firstOf(long pair) {
-            return tagOf(pair) == VIEW ? partOf(activationOf(pair), ARGUMENTS, indexOf(pair)) : plainFirst(pair);
+            return tagOf(pair) == VIEW ? argumentOf(activationOf(pair), indexOf(pair)) : plainFirst(pair);
         }
 
         private long plainFirst(long pair) {
@@ -4113,93 +4857,98 @@ public final class WindwardScheme {
 
         // ---- variables
 
-        /** Begins to look for a variable, as it was ahead of the part at hand. */
-        private void beginSearch(int target, int place) {
-            int segment = noted(SEGMENT);
-            note(TARGET, target);
-            note(TARGET_PLACE, place);
-            note(LOOKED, noted(INTERVAL));
-            note(NEXT, segment == History.END ? FROM_END : segment == History.START ? FROM_START : FROM_PASSED);
-            note(CEILING, 0);
-            note(LIMIT, noted(PLACE));
-            note(LIMIT_WAITED, segment >= History.PASSED ? segment - 1 : 0);
-            note(STAGE, AT_SEARCH);
-        }
-
-        /** What the variable was; 0 if it is not known yet. */
-        private long search() {
-            int target = noted(TARGET);
-            int place = noted(TARGET_PLACE);
-            for (int i = 0; i < MAX_STEPS && noted(STAGE) == AT_SEARCH; i++) {
-                int interval = noted(LOOKED);
-                int next = noted(NEXT);
-                if (next == BEFORE) {
-                    if (!isEarlierFound(target, place)) {
-                        return initial(target, place);
-                    }
-                    continue;
-                }
-                note(NEXT, next + 1);
-                boolean isNow = interval == history.now && history.isOpen;
-                long held = next == FROM_END && noted(LIMIT) == 0 && !isNow ? held(interval, target, place) : 0;
-                if (held == NOT_SET || isNow && !settings.mayBeSetNow(target, place)) {
-                    note(NEXT, BEFORE);
-                } else if (held != 0) {
-                    passed(target, place, interval);
-                    return held;
-                } else if (mayBeSet(interval, next, target)) {
-                    lookThrough(interval, next);
-                }
-                if (noted(STAGE) == AT_SEARCH) {
-                    note(LIMIT, 0);
-                    note(LIMIT_WAITED, 0);
+        /** Goes on to the last interval ahead in which the variable may have been set, or to what it is bound to. */
+        private long lookEarlier() {
+            int environment = noted(ENVIRONMENT);
+            int place = noted(PLACE);
+            int looked = noted(LOOKED);
+            long held = knownFor(keyOf(VARIABLE, environment, place, looked));
+            if (held != 0) {
+                return held;
+            }
+            note(CEILING, noted(CEILING) == 0 ? looked : noted(CEILING));
+            int found = lastSetting(environment, place, settings.lastPossible(environment, place, looked));
+            int anchor = found == 0 ? NONE : settings.anchorAt(found, looked);
+            if (anchor != NONE) {
+                held = settings.anchored(anchor, environment, place);
+                if (held == 0 && settings.isComplete(anchor, environment)) {
+                    note(LOOKED, settings.intervalBefore(anchor) + 1);
+                    return 0;
                 }
             }
-            return 0;
+            if (found == 0) {
+                passed(environment, place, 0);
+                return initial(environment, place);
+            }
+            held = held == 0 ? knownFor(keyOf(BEHIND, environment, place, found)) : held;
+            note(LOOKED, found);
+            note(NEXT, FROM_END);
+            note(LIMIT, ALL);
+            note(FRESH, 1);
+            return held;
         }
 
-        private long initial(int target, int place) {
-            if (target != 0) {
-                beginArgument(target, place);
+        /** The last interval up to one in which a variable may have been set; 0 if there is none. */
+        private int lastSetting(int environment, int place, int last) {
+            int row = rowOfPass(environment, place);
+            long pass = wordAt(passes, row) == keyOf(BEHIND, environment, place, 0) ? wordAt(passes, row + 1) : 0;
+            int from = (int) pass & INTERVAL_MASK;
+            int to = (int) (pass >>> INTERVAL_BITS);
+            if (to == 0 || last <= from) {
+                return settings.lastSetting(environment, place, last, Math.max(1, environment));
+            }
+            int found = last < to ? 0 : settings.lastSetting(environment, place, last, Math.max(to, environment));
+            return found == 0 ? from : found;
+        }
+
+        private int rowOfPass(int environment, int place) {
+            int hash = (environment * 0x9E3779B1 + place * 0x7FEB352D) * 0x85EBCA6B;
+            return (hash >>> 8) % (passes.length >> 1) << 1;
+        }
+
+        /** Keeps it that a variable was not set between an interval and where the search began. */
+        private void passed(int environment, int place, int interval) {
+            int ceiling = noted(CEILING);
+            if (ceiling != 0) {
+                int row = rowOfPass(environment, place);
+                putWord(passes, row, keyOf(BEHIND, environment, place, 0));
+                putWord(passes, row + 1, interval | (long) ceiling << INTERVAL_BITS);
+            }
+        }
+
+        /** What a variable was as long as it was not set; 0 if that is looked for now. */
+        private long initial(int environment, int place) {
+            if (environment != 0) {
+                lookForArgument(environment, place);
                 return 0;
             }
             return place >= FIRST_PRIMITIVE && place <= LAST_PRIMITIVE ? primitiveValue(place) : NOTHING;
         }
 
-        /** What a variable was set to in an interval, if that is held; NOT_SET if it was not set in it; 0 if it may have been. */
-        private long held(int interval, int target, int place) {
-            int filter = history.extraOf(interval, History.FILTER_EXTRA);
-            if (filter != 0 && !settings.mayBeIn(history.infoOf(filter), target, place)) {
-                return NOT_SET;
-            }
-            int extra = history.extraOf(interval, History.SETTINGS_EXTRA);
-            int count = extra == 0 ? 0 : history.infoOf(extra);
-            long key = keyOfSetting(target, place);
-            for (int i = 0; i < count; i++) {
-                if (history.word(extra + 1 + 2 * i) == key) {
-                    return history.word(extra + 2 + 2 * i);
-                }
-            }
-            return extra == 0 ? 0 : NOT_SET;
-        }
-
-        /** How a variable is named among the settings that an interval holds. */
-        static long keyOfSetting(int target, int place) {
-            return (long) target << SEGMENT_BITS | place;
-        }
-
-        /** Whether the variable may have been set in what is next in an interval. */
-        private boolean mayBeSet(int interval, int next, int target) {
+        /** Looks whether the variable was set in a segment of the interval at hand. */
+        private long lookInto(int next) {
+            int interval = noted(LOOKED);
+            int segment = next == FROM_END ? History.END : next == FROM_PASSED ? History.PASSED : History.START;
             int flags = history.flagsOf(interval);
-            if (next == FROM_PASSED) {
-                return (flags & History.PASSED_SET) != 0;
+            int flag = next == FROM_END ? History.END_SET : next == FROM_PASSED ? History.PASSED_SET : History.START_SET;
+            int act = segment == History.PASSED ? 0 : history.actOf(interval, segment);
+            int out = act == 0 ? 0 : depthOf(history.environmentOf(act), noted(ENVIRONMENT));
+            if ((flags & flag) == 0 || out == NONE || noted(LIMIT) == 0) {
+                note(NEXT, next + 1);
+                note(LIMIT, ALL);
+                note(FRESH, 0);
+                return 0;
             }
-            boolean isStart = next == FROM_START;
-            if ((flags & (isStart ? History.START_SET : History.END_SET)) == 0) {
-                return false;
+            note(SEGMENT, segment);
+            note(PURPOSE, Walker.SETS);
+            long kept = act == 0 ? -1 : walker.kept(Walker.SETS, startOf(interval, segment), testsOf(interval, segment));
+            if (kept < 0) {
+                note(STAGE, AT_BEGIN);
+                note(FRAME, 0);
+                return 0;
             }
-            int act = history.actOf(interval, isStart ? History.START : History.END);
-            return depthOf(history.environmentOf(act), target) != NONE;
+            takeSetting(walker.keptSetting(kept, noted(PLACE) | out << Walker.OUT_SHIFT));
+            return 0;
         }
 
         /** How far out an environment is, seen from another one; NONE if it is not around that. */
@@ -4210,379 +4959,236 @@ public final class WindwardScheme {
                 around = history.around(around);
                 out++;
             }
-            return target == 0 ? GLOBAL_DEPTH : around == target ? out : NONE;
+            return target == 0 ? Walker.GLOBAL_OUT : around == target ? out : NONE;
         }
 
-        /** Begins to look through a part of an interval for the last setting, if that was not looked through just before. */
-        private void lookThrough(int interval, int next) {
-            int scanned = next == FROM_END ? History.END : next == FROM_START ? History.START : History.PASSED;
-            boolean isStopped = (history.flagsOf(interval) & History.STOPPED) != 0;
-            boolean isWhole = noted(LIMIT) == 0 && (interval != history.now || !history.isOpen);
-            if (isWhole && settings.isWalked(keyOfWalk(interval, scanned))) {
-                long where = settings.walked(noted(TARGET), noted(TARGET_PLACE));
-                int segment = scanned == History.PASSED ? (int) (where >>> OFFSET_BITS) + 1 : scanned;
-                if (where != 0) {
-                    passed(noted(TARGET), noted(TARGET_PLACE), interval);
-                    follow(interval, segment, (int) where & OFFSET_MASK);
-                }
-                return;
-            }
-            if (scanned == History.END && noted(LIMIT) == 0 && isStopped) {
-                note(LIMIT, history.placeOf(interval));
-            }
-            note(WALKED, isWhole && !isStopped ? 1 : 0);
-            beginScan(scanned, SETTING);
-        }
-
-        private static long keyOfWalk(int interval, int scanned) {
-            return (long) interval << 4 | scanned << 1;
-        }
-
-        /** Looks whether it is known what is on the way through an END. */
-        private void lookForWay() {
-            int interval = noted(LOOKED);
-            int waited = noted(WAITED);
-            int act = history.actOf(interval, History.END);
-            boolean isSetting = noted(PURPOSE) == SETTING;
-            int out = isSetting ? depthOf(history.environmentOf(act), noted(TARGET)) : 0;
-            int start = waited == 0
-                    ? history.codeOf(act)
-                    : history.programOf(act) << OFFSET_BITS | history.placeOf(waited);
-            putWord(way, 0, start | (long) noted(LIMIT) << 30 | (long) out << 51);
-            putWord(way, 1, history.keyOfTests(interval));
-            int found = knownWay();
-            note(WAY, wordAt(way, 1) != 0 ? 1 : 0);
-            note(STAGE, AT_SEGMENT);
-            if (found > 0 && isSetting) {
-                passed(noted(TARGET), noted(TARGET_PLACE), interval);
-                follow(interval, History.END, found);
-            } else if (found > 0) {
-                note(PLACE, found);
-                note(STAGE, AT_PART);
-            } else if (found == NONE) {
-                note(LIMIT, 0);
-                note(STAGE, AT_SEARCH);
-            }
-        }
-
-        /** Whether there is an earlier interval in which the variable may have been set; that is looked at next then. */
-        private boolean isEarlierFound(int target, int place) {
-            int looked = noted(LOOKED);
-            if (noted(CEILING) == 0) {
-                note(CEILING, looked);
-            }
-            int row = rowOfPass(target, place);
-            long pass = wordAt(passes, row) == keyOf(target, 0, place) ? wordAt(passes, row + 1) : 0;
-            int from = (int) pass & INTERVAL_MASK;
-            int to = (int) (pass >>> INTERVAL_BITS);
-            int found;
-            if (to != 0 && looked > from && looked <= to) {
-                found = from;
+        /** Goes on with what the variable is set to in the segment at hand, if it is. */
+        private void takeSetting(long word) {
+            if (word == Walker.NOT_SET) {
+                note(NEXT, noted(NEXT) + 1);
+                note(LIMIT, ALL);
+                note(FRESH, 0);
+                note(STAGE, AT_VARIABLE);
             } else {
-                int lowest = to != 0 && looked > to ? to : Math.max(1, target);
-                found = settings.lastSetting(target, place, looked, lowest);
-                found = found == 0 && lowest == to ? from : found;
-            }
-            if (found == 0) {
-                passed(target, place, 0);
-                return false;
-            }
-            note(LOOKED, found);
-            note(NEXT, FROM_END);
-            return true;
-        }
-
-        private int rowOfPass(int target, int place) {
-            int hash = (target * 0x9E3779B1 + place * 0x7FEB352D) * 0x85EBCA6B;
-            return (hash >>> 8) % (passes.length >> 1) << 1;
-        }
-
-        /** Keeps it that a variable was not set between an interval and where the search began. */
-        private void passed(int target, int place, int interval) {
-            int ceiling = noted(CEILING);
-            if (ceiling != 0) {
-                int row = rowOfPass(target, place);
-                putWord(passes, row, keyOf(target, 0, place));
-                putWord(passes, row + 1, interval | (long) ceiling << INTERVAL_BITS);
+                takeLater(word);
+                note(IS_SET, 1);
             }
         }
 
-        // ---- looking through segments
+        private void noteSet() {
+            int environment = noted(ENVIRONMENT);
+            int place = noted(PLACE);
+            if (noted(FRESH) != 0) {
+                mark(keyOf(BEHIND, environment, place, noted(LOOKED)));
+            }
+            passed(environment, place, noted(LOOKED));
+        }
 
-        private void beginScan(int scanned, int purpose) {
+        // ---- walks
+
+        /** Where a segment begins in the code. */
+        private long startOf(int interval, int segment) {
+            int waited = segment == History.END ? history.waitedOf(interval) : 0;
+            int code = history.codeOf(history.actOf(interval, segment));
+            return waited == 0 ? code : code >>> OFFSET_BITS << OFFSET_BITS | history.placeOf(waited);
+        }
+
+        private boolean isStopped(int interval, int segment) {
+            return segment == History.END && (history.flagsOf(interval) & History.STOPPED) != 0;
+        }
+
+        /** By what the way through a segment is known, besides where it begins. */
+        private long testsOf(int interval, int segment) {
+            long tests = isStopped(interval, segment) ? 0 : history.keyOfTests(interval, segment);
+            return tests == 0 ? OF_INTERVAL | interval : tests;
+        }
+
+        /** Begins with a walk through the segment at hand, or the next body in it. */
+        private void beginWalk() {
             int interval = noted(LOOKED);
-            note(WALKED, purpose == SETTING ? noted(WALKED) : 0);
-            note(SCANNED, scanned);
-            note(PURPOSE, purpose);
-            note(WAITED, scanned == History.END ? history.waitedOf(interval, History.END) : 0);
-            note(TESTS_SEEN, 0);
-            note(LAST_WAITED, 0);
-            note(LAST, 0);
-            note(LAST_FORM, 0);
-            note(STAGE, scanned == History.END && purpose != GIFT ? AT_WAY : AT_SEGMENT);
-        }
-
-        /** Begins to look through a segment. */
-        private void openSegment() {
-            int waited = noted(WAITED);
-            if (waited == 0 && noted(SCANNED) == History.PASSED) {
-                waited = history.firstPassedOf(noted(LOOKED));
-                note(WAITED, waited);
+            int segment = noted(SEGMENT);
+            boolean isPassed = segment == History.PASSED;
+            boolean isFirst = !isPassed || noted(FRAME) == 0;
+            if (isPassed && isFirst) {
+                note(FRAME, history.firstPassedOf(interval));
+                note(BODY, 0);
+                note(HIT_BODY, NONE);
+                note(CARRIED_BODY, 0);
+                noteWord(CARRIED, history.firstGiftOf(interval));
             }
-            int act = waited != 0 ? history.actOf(waited, History.END) : noted(LOOKED);
+            int waited = isPassed ? noted(FRAME) : segment == History.END ? history.waitedOf(interval) : 0;
+            int act = isPassed ? history.actOf(waited, History.END) : history.actOf(interval, segment);
             int program = history.programOf(act);
             if (!isLoaded(program)) {
                 return;
             }
-            levelsUsed = noted(BOTTOM);
-            note(FORM, 0);
-            note(FORM_PLACE, 0);
-            if (waited == 0) {
-                int body = (history.codeOf(act) & OFFSET_MASK) + BODY_PLACE;
-                note(FORM, SEQUENCE | ACTIVE | body << SLOT_SHIFT);
+            if (isFirst) {
+                note(LEVELS_BELOW, walker.levelCount);
+                note(PARTS_BELOW, walker.partCount);
+                note(SETS_BELOW, walker.setCount);
+                note(BITS, bitsUsed);
+                note(SEEN, 0);
+                loadTests(interval, segment);
+            }
+            store.makeRoom(store.blocksBeside(program), program);
+            int place = waited == 0 ? 0 : history.placeOf(waited);
+            int limit = isStopped(interval, segment) ? history.placeOf(interval) : 0;
+            walker.beginAt(program, history.codeOf(act) & OFFSET_MASK, place, limit);
+            note(STAGE, AT_WALK);
+        }
+
+        /** Lets the walker have the tests of a segment, as far as they are known. */
+        private void loadTests(int interval, int segment) {
+            int count = history.load(interval, segment);
+            long kept = count < 0 ? walker.kept(Walker.TESTS, (long) interval << 2 | segment, 0) : -1;
+            count = kept < 0 ? count : walker.loadTests(kept);
+            note(TESTS, count);
+            walker.setTests(count);
+        }
+
+        /** Looks for what the test at hand came to, which is not known. */
+        private void lookAtTest() {
+            int interval = noted(LOOKED);
+            int segment = noted(SEGMENT);
+            boolean isPassed = segment == History.PASSED;
+            long word = walker.value;
+            int body = noted(BODY);
+            if (word == Walker.GIFT) {
+                word = isPassed ? notedWord(CARRIED) : history.giftOf(interval);
+                body = noted(CARRIED_BODY);
+            } else if (((int) word & Walker.SORT_MASK) == Walker.AHEAD) {
+                int variable = (int) (word >>> Walker.CONTENT_SHIFT);
+                int act = isPassed ? history.actOf(noted(FRAME), History.END) : history.actOf(interval, segment);
+                int environment = environmentOf(act, variable >>> Walker.OUT_SHIFT);
+                word = Settings.ahead(environment, variable & VARIABLE_MASK);
             } else {
-                pushWaiting(program, history.placeOf(waited));
+                word = word == FALSE ? FALSE : TRUE;
             }
-            if (noted(PURPOSE) == SETTING) {
-                note(DEPTH, depthOf(history.environmentOf(act), noted(TARGET)));
-            }
-            if (noted(WALKED) == 1) {
-                settings.beginWalk(keyOfWalk(noted(LOOKED), noted(SCANNED)));
-                note(WALKED, 2);
-            }
-            note(STAGE, AT_SCAN);
-        }
-
-        /** Lets the forms wait that are around a place. */
-        private void pushWaiting(int program, int place) {
-            int content = store.word(program, place) >>> SLOT_SHIFT;
-            for (int i = 0; i < MAX_LEVEL && content != 0; i++) {
-                int around = store.word(program, content - 2);
-                int index = store.word(program, content - 1) & INDEX_MASK;
-                content = around >>> SLOT_SHIFT;
-                int tag = around & TAG_MASK;
-                boolean isLast = tag == SEQUENCE && store.word(program, content + index + 1) == 0;
-                if (around != 0 && !isLast && (tag != BRANCH || index == 0)) {
-                    push(around, content + index);
-                }
-            }
-            int first = noted(BOTTOM);
-            int last = levelsUsed - 2;
-            for (; first < last; first += 2) {
-                swap(first, last);
-                swap(first + 1, last + 1);
-                last -= 2;
-            }
-        }
-
-        private void push(int slot, int cursor) {
-            put(levels, levelsUsed, slot);
-            put(levels, levelsUsed + 1, cursor);
-            levelsUsed += 2;
-        }
-
-        private void swap(int one, int other) {
-            int number = at(levels, one);
-            put(levels, one, at(levels, other));
-            put(levels, other, number);
-        }
-
-        /** Goes on with looking through a segment, up to a test that is not known, or the end. */
-        private long scan() {
-            int waited = noted(WAITED);
-            int act = waited != 0 ? history.actOf(waited, History.END) : noted(LOOKED);
-            int program = history.programOf(act);
-            boolean isLimited = noted(PURPOSE) == SETTING && noted(LIMIT_WAITED) == (noted(SCANNED) == History.PASSED ? waited : 0);
-            int limit = isLimited ? noted(LIMIT) : 0;
-            if (!isLoaded(program)) {
-                return 0;
-            }
-            boolean isOn = true;
-            for (int i = 0; i < MAX_STEPS && isOn; i++) {
-                int form = noted(FORM);
-                if (form != 0) {
-                    int slot = store.word(program, noted(FORM_PLACE));
-                    slot = noted(FORM_PLACE) == 0 ? form : slot;
-                    isOn = limit == 0 || noted(FORM_PLACE) != limit || (slot & TAG_MASK) == OTHER;
-                    note(FORM, 0);
-                    if (isOn) {
-                        scanInto(program, slot);
-                    }
-                } else if (levelsUsed <= noted(BOTTOM)) {
-                    return endSegment(act);
-                } else if ((at(levels, levelsUsed - 2) & TAG_MASK) == BRANCH) {
-                    int holds = history.testOf(noted(LOOKED), noted(SCANNED), noted(TESTS_SEEN));
-                    if (holds < 0) {
-                        note(WAY, 0);
-                        note(STAGE, AT_SCAN_CHOICE);
-                        int segment = noted(SCANNED) == History.PASSED ? waited + 1 : noted(SCANNED);
-                        beginTest(noted(LOOKED), segment, at(levels, levelsUsed - 2) >>> SLOT_SHIFT);
-                        return 0;
-                    }
-                    note(TESTS_SEEN, noted(TESTS_SEEN) + 1);
-                    if (isChosen(holds)) {
-                        return 0;
-                    }
-                } else {
-                    isOn = scanBehind(program, act, limit);
-                }
-            }
-            return endScan();
-        }
-
-        /** Goes on with the part that a test chose; whether that is all that is looked for. */
-        private boolean isChosen(int holds) {
-            int content = at(levels, levelsUsed - 2) >>> SLOT_SHIFT;
-            int chosen = content + 2 - holds;
-            boolean isOfIt = noted(SCANNED) != History.PASSED || noted(LIMIT_WAITED) == noted(WAITED);
-            if (noted(PURPOSE) == CHOICE && isOfIt && content == noted(LIMIT)) {
-                knowWay(chosen);
-                levelsUsed = noted(BOTTOM);
-                note(PLACE, chosen);
-                note(STAGE, AT_PART);
-                return true;
-            }
-            levelsUsed -= 2;
-            note(FORM, -1);
-            note(FORM_PLACE, chosen);
-            return false;
-        }
-
-        private void scanInto(int program, int slot) {
-            if (levelsUsed <= noted(BOTTOM)) {
-                note(LAST_FORM, noted(FORM_PLACE));
-            }
-            if ((slot & ACTIVE) == 0) {
+            long found = Settings.isValue(word) ? word : knownFor(keyOf(TEST, interval, noted(SEEN), segment));
+            word = found == 0 ? word : found;
+            if (Settings.isValue(word)) {
+                noteTest(word != FALSE);
+                walker.choose(word != FALSE);
                 return;
             }
-            boolean isSetting = (slot & TAG_MASK) == OTHER;
-            int content = slot >>> SLOT_SHIFT;
-            int first = isSetting ? content + 2 : content;
-            boolean isOne = (slot & TAG_MASK) == SEQUENCE && store.word(program, first + 1) == 0;
-            if (!isOne) {
-                push(slot, content);
-            }
-            note(FORM, -1);
-            note(FORM_PLACE, first);
+            note(TEST_ENVIRONMENT, Settings.environmentAhead(word));
+            note(TEST_PLACE, Settings.placeAhead(word));
+            note(TEST_LIMIT, isPassed ? body : ALL);
+            note(STAGE, AT_WITHIN);
         }
 
-        /** Goes on behind a part of a call, a sequence or a setting; whether that was not the last one of the segment. */
-        private boolean scanBehind(int program, int act, int limit) {
-            int slot = at(levels, levelsUsed - 2);
-            int place = at(levels, levelsUsed - 1) + 1;
-            if ((slot & TAG_MASK) == OTHER) {
-                return isBehindSetting(program, act, place - 1, limit);
+        /** Goes on with a walk behind a test that was looked for. */
+        private void goOnWithWalk() {
+            boolean isPassed = noted(SEGMENT) == History.PASSED;
+            int act = isPassed ? history.actOf(noted(FRAME), History.END) : history.actOf(noted(LOOKED), noted(SEGMENT));
+            int program = history.programOf(act);
+            if (isLoaded(program)) {
+                int limit = isStopped(noted(LOOKED), noted(SEGMENT)) ? history.placeOf(noted(LOOKED)) : 0;
+                walker.take(noted(LEVELS_BELOW), noted(SETS_BELOW), program, limit);
+                noteTest(noted(OUTCOME) != 0);
+                walker.choose(noted(OUTCOME) != 0);
+                note(STAGE, AT_WALK);
             }
-            boolean isCall = (slot & TAG_MASK) == CALL;
-            int next = store.word(program, place);
-            for (int i = 0; i < MAX_SIZE && isCall && next != 0 && (next & ACTIVE) == 0 && place != limit; i++) {
-                place++;
-                next = store.word(program, place);
-            }
-            put(levels, levelsUsed - 1, place);
-            if (!isCall && store.word(program, place + 1) == 0) {
-                levelsUsed -= 2;
-            }
-            note(FORM, next == 0 ? 0 : -1);
-            note(FORM_PLACE, place);
-            return next != 0;
         }
 
-        /** Goes on behind a setting, which is noted if it is one of the variable; whether it was not stopped there. */
-        private boolean isBehindSetting(int program, int act, int node, int limit) {
-            int around = store.word(program, node - 2);
-            int index = store.word(program, node - 1) & INDEX_MASK;
-            int place = (around >>> SLOT_SHIFT) + ((around & TAG_MASK) == OTHER ? 2 : index);
-            if (limit != 0 && place == limit) {
-                return false;
+        private void noteTest(boolean holds) {
+            int seen = noted(SEEN);
+            if (noted(SEGMENT) == History.PASSED) {
+                know(keyOf(TEST, noted(LOOKED), seen, History.PASSED), holds ? TRUE : FALSE);
+            } else {
+                History.putBit(bits, (noted(BITS) << 6) + seen, holds ? 1 : 0);
             }
-            int set = store.word(program, node + 1);
-            boolean isLocal = store.word(program, node) == SET_LOCAL;
-            int out = isLocal ? set >>> DEPTH_OUT_SHIFT : GLOBAL_DEPTH;
-            int variable = isLocal ? set >> SLOT_SHIFT & VARIABLE_MASK : set;
-            if (noted(PURPOSE) == SETTING && out == noted(DEPTH) && variable == noted(TARGET_PLACE)) {
-                note(LAST, node + 2);
-                note(LAST_WAITED, noted(WAITED));
-            }
-            if (noted(WALKED) != 0) {
-                int environment = isLocal ? history.environmentOf(act) : 0;
-                for (int i = 0; i < out && isLocal; i++) {
-                    environment = history.around(environment);
-                }
-                long where = node + 2 | (long) noted(WAITED) << OFFSET_BITS;
-                settings.noteWalked(keyOfWalk(noted(LOOKED), noted(SCANNED)), environment, variable, where);
-            }
-            levelsUsed -= 2;
-            return true;
+            note(SEEN, seen + 1);
         }
 
-        /** Goes on behind the end of a body, to the one that went on with its value. */
-        private long endSegment(int act) {
-            if (noted(SCANNED) != History.PASSED) {
-                return endScan();
+        /** Goes on with what the walk told that is at its end. */
+        private void endWalk() {
+            int interval = noted(LOOKED);
+            int segment = noted(SEGMENT);
+            if (noted(TESTS) < 0) {
+                walker.keepTests((long) interval << 2 | segment, bits, noted(BITS), noted(SEEN));
+                bitsUsed = noted(BITS);
             }
-            long given = 0;
+            long start = startOf(interval, segment);
+            long tests = testsOf(interval, segment);
+            boolean isPart = noted(PURPOSE) == Walker.PARTS;
+            long told;
+            if (isPart) {
+                told = walker.partNow(noted(PLACE));
+                walker.keepParts(start, tests);
+            } else {
+                int out = depthOf(history.environmentOf(history.actOf(interval, segment)), noted(ENVIRONMENT));
+                told = walker.settingNow(noted(PLACE) | out << Walker.OUT_SHIFT);
+                walker.keepSets(start, tests);
+            }
+            walker.cut(noted(LEVELS_BELOW), noted(PARTS_BELOW), noted(SETS_BELOW));
+            if (isPart) {
+                takeLater(told);
+            } else {
+                takeSetting(told);
+            }
+        }
+
+        /** A word of a body that was passed, without regard to where it is told. */
+        private long wordOfBody(long word) {
+            int act = history.actOf(noted(FRAME), History.END);
+            int content = (int) (word >>> Walker.CONTENT_SHIFT);
+            if (((int) word & Walker.SORT_MASK) == Walker.AHEAD) {
+                return Settings.ahead(environmentOf(act, content >>> Walker.OUT_SHIFT), content & VARIABLE_MASK);
+            }
+            return ((int) word & Walker.SORT_MASK) == Walker.MADE ? closure(content, act, noted(LOOKED)) : word;
+        }
+
+        /** Goes on behind a body that was passed, to the one that went on with its value. */
+        private long endBody() {
+            int interval = noted(LOOKED);
+            int act = history.actOf(noted(FRAME), History.END);
+            int out = depthOf(history.environmentOf(act), noted(ENVIRONMENT));
+            long set = out == NONE ? Walker.NOT_SET : walker.settingNow(noted(PLACE) | out << Walker.OUT_SHIFT);
+            if (set != Walker.NOT_SET) {
+                noteWord(HIT, set == Walker.GIFT ? notedWord(CARRIED) : wordOfBody(set));
+                note(HIT_BODY, set == Walker.GIFT ? noted(CARRIED_BODY) : noted(BODY));
+            }
+            if (walker.value != Walker.GIFT) {
+                noteWord(CARRIED, wordOfBody(walker.value));
+                note(CARRIED_BODY, noted(BODY));
+            }
+            walker.cut(noted(LEVELS_BELOW), noted(PARTS_BELOW), noted(SETS_BELOW));
             int frame = history.behind(act);
             for (int i = 0; i < MAX_STEPS && frame >= History.SPECIAL; i++) {
                 long word = history.word(frame - History.SPECIAL);
                 int sort = (int) word & FRAME_MASK;
-                given = sort == AFTER_FRAME ? history.word(frame - History.SPECIAL + 1) : given;
+                if (sort == AFTER_FRAME) {
+                    noteWord(CARRIED, history.word(frame - History.SPECIAL + 1));
+                }
                 frame = (int) (word >>> FRAME_BITS) & LINK_MASK;
                 if (sort == JUMP_FRAME || sort == ENTER_FRAME) {
                     // A jump that was applied to nothing else has arrived.
                     int goal = (int) (word >>> FRAME_BITS + LINK_BITS) & LINK_MASK;
-                    given = history.word(goal + 1);
+                    noteWord(CARRIED, history.word(goal + 1));
                     frame = (int) history.word((int) history.word(goal)) & LINK_MASK;
                 }
             }
-            if (noted(PURPOSE) == GIFT && frame == noted(LIMIT_WAITED)) {
-                if (given == 0 && noted(LAST_FORM) != 0) {
-                    follow(noted(LOOKED), noted(WAITED) + 1, noted(LAST_FORM));
-                    return 0;
-                }
-                return given == 0 ? NOTHING : given;
-            }
-            boolean isLast = noted(WAITED) == noted(LIMIT_WAITED) && noted(LIMIT) != 0;
-            if (frame == 0 || isLast || frame == history.waitedOf(noted(LOOKED), History.END)) {
-                return endScan();
-            }
-            note(WAITED, frame);
-            note(LAST_FORM, 0);
-            note(STAGE, AT_SEGMENT);
-            return 0;
-        }
-
-        /** Ends with looking through segments; what was found is followed. */
-        private long endScan() {
-            levelsUsed = noted(BOTTOM);
-            if (noted(PURPOSE) != SETTING) {
-                return NOTHING;
-            }
-            int scanned = noted(SCANNED);
-            int last = noted(LAST);
-            knowWay(last == 0 ? NONE : last);
-            if (noted(WALKED) != 0) {
-                settings.endWalk(keyOfWalk(noted(LOOKED), scanned));
-                note(WALKED, 0);
-            }
-            if (last == 0) {
-                note(LIMIT, 0);
-                note(LIMIT_WAITED, 0);
-                note(STAGE, AT_SEARCH);
+            note(BODY, noted(BODY) + 1);
+            note(FRAME, frame);
+            boolean isLast = frame == 0 || frame == history.waitedOf(interval) || noted(BODY) >= noted(LIMIT);
+            note(STAGE, isLast ? AT_VARIABLE : AT_BEGIN);
+            if (!isLast) {
                 return 0;
             }
-            passed(noted(TARGET), noted(TARGET_PLACE), noted(LOOKED));
-            follow(noted(LOOKED), scanned == History.PASSED ? noted(LAST_WAITED) + 1 : scanned, last);
-            return 0;
+            if (noted(HIT_BODY) == NONE) {
+                takeSetting(Walker.NOT_SET);
+                return 0;
+            }
+            noteSet();
+            long hit = notedWord(HIT);
+            if (!Settings.isValue(hit)) {
+                lookFor(Settings.environmentAhead(hit), Settings.placeAhead(hit), FROM_PASSED, noted(HIT_BODY));
+            }
+            return Settings.isValue(hit) ? hit : 0;
         }
 
         // ---- what is known for a while
-
-        private static long keyOf(int interval, int segment, int place) {
-            return interval
-                    | (long) (segment + LEAST_SEGMENT) << INTERVAL_BITS
-                    | (long) place << INTERVAL_BITS + SEGMENT_BITS;
-        }
 
         /** Lets more be known, if much is forgotten. */
         private void growKnown() {
@@ -4590,19 +5196,16 @@ public final class WindwardScheme {
             known = new long[4 * before.length];
             for (int i = before.length - 2; i >= 0; i -= 2) {
                 if (wordAt(before, i) != 0) {
-                    knowByKey(wordAt(before, i), wordAt(before, i + 1));
+                    know(wordAt(before, i), wordAt(before, i + 1));
                 }
             }
             forgotten = 0;
         }
 
-        /** Lets more be known, if there is more to know. */
-        private void growTables() {
+        /** Lets more be known of variables, if there is more to know. */
+        private void growPasses() {
             if (passes.length < MOST_PASSES && passes.length < history.now) {
                 passes = new long[4 * passes.length];
-            }
-            if (ways.length < MOST_WAYS && ways.length < history.now) {
-                ways = new long[4 * ways.length];
             }
         }
 
@@ -4611,8 +5214,7 @@ public final class WindwardScheme {
             return (hash ^ hash >>> 15) & known.length - 4;
         }
 
-        private long knownPart(int interval, int segment, int place) {
-            long key = keyOf(interval, history.lastingSegment(interval, segment), place);
+        private long knownFor(long key) {
             int row = rowOfKnown(key);
             if (wordAt(known, row) == key) {
                 return wordAt(known, row + 1);
@@ -4620,12 +5222,8 @@ public final class WindwardScheme {
             return wordAt(known, row + 2) == key ? wordAt(known, row + 3) : 0;
         }
 
-        /** Keeps what was found for a part. */
-        private void know(int interval, int segment, int place, long value) {
-            knowByKey(keyOf(interval, history.lastingSegment(interval, segment), place), value);
-        }
-
-        private void knowByKey(long key, long value) {
+        /** Keeps what was found. */
+        private void know(long key, long value) {
             int row = rowOfKnown(key);
             if (wordAt(known, row) != key) {
                 forgotten += wordAt(known, row + 2) == 0 ? 0 : 1;
@@ -4634,37 +5232,6 @@ public final class WindwardScheme {
                 putWord(known, row, key);
             }
             putWord(known, row + 1, value);
-        }
-
-        private int rowOfWay(long begin, long tests, int end) {
-            int hash = ((int) begin * 31 + (int) (begin >>> 32)) * 0x9E3779B1 + end * 0x7FEB352D;
-            hash = (hash + (int) tests * 0x2C1B3C6D + (int) (tests >>> 32)) * 0x85EBCA6B;
-            return (hash ^ hash >>> 15) & ways.length - 4;
-        }
-
-        /** What was found on the same way through the END of another interval; NONE if it is not there; 0 if not known. */
-        private int knownWay() {
-            long begin = wordAt(way, 0);
-            long tests = wordAt(way, 1);
-            int end = noted(PURPOSE) == CHOICE ? CHOICE << SLOTS_SHIFT : noted(TARGET_PLACE);
-            int row = rowOfWay(begin, tests, end);
-            boolean isKnown = tests != 0
-                    && wordAt(ways, row) == begin
-                    && wordAt(ways, row + 1) == tests
-                    && ((int) wordAt(ways, row + 2) & (1 << SLOTS_SHIFT + 2) - 1) == end;
-            return isKnown ? (int) (wordAt(ways, row + 2) >> SLOTS_SHIFT + 2) : 0;
-        }
-
-        private void knowWay(int found) {
-            if (noted(SCANNED) == History.END && noted(WAY) == 1) {
-                long begin = wordAt(way, 0);
-                long tests = wordAt(way, 1);
-                int end = noted(PURPOSE) == CHOICE ? CHOICE << SLOTS_SHIFT : noted(TARGET_PLACE);
-                int row = rowOfWay(begin, tests, end);
-                putWord(ways, row, begin);
-                putWord(ways, row + 1, tests);
-                putWord(ways, row + 2, end | (long) found << SLOTS_SHIFT + 2);
-            }
         }
     }
 
@@ -4677,41 +5244,40 @@ public final class WindwardScheme {
         static final int EVALUATE = 0;
         static final int TAKE = 1;
         static final int APPLY = 2;
-        private static final int MOST_VALUES = 8192;
         private static final int STEPS = 100000;
+        // What is known of a form that waits: its slot, its place, the place of the part at hand, at what height its values begin.
+        private static final int NODE = 0;
+        private static final int PLACE = 1;
+        private static final int CURSOR = 2;
+        private static final int HEIGHT = 3;
+        private static final int LEVEL = 4;
 
         private final Store store;
         private final History history;
         private final Settings settings;
         private final Finder finder;
         int program; // that is evaluated
-        // For each form that waits: its slot, its place, the place of the part at hand, at what height its values begin.
-        private final int[] nodes;
-        private final int[] places;
-        private final int[] cursors;
-        private final int[] heights;
+        private final int[] levels; // for each form that waits: see below
         private int level;
-        private final long[] stack; // a value is 0 if it is not known
+        private final Area stack; // a value, or what tells it by what variables were ahead, or 0
         private int used;
+        private int fixed; // how many of them are of intervals before
         private int below; // how many values wait below them
         int start; // at what height the procedure to be applied is, with its arguments above
         int mode;
-        long value; // 0 if it is not known
+        long value; // or what tells it by what a variable was ahead
         int environment;
         private int form;
         private int formPlace;
         int behind; // what waits behind the body
 
-        Body(Store store, History history, Settings settings, Finder finder) {
+        Body(Area room, Store store, History history, Settings settings, Finder finder) {
             this.store = store;
             this.history = history;
             this.settings = settings;
             this.finder = finder;
-            nodes = new int[LEVELS];
-            places = new int[LEVELS];
-            cursors = new int[LEVELS];
-            heights = new int[LEVELS];
-            stack = new long[MOST_VALUES];
+            levels = new int[LEVELS * LEVEL];
+            stack = new Area(room, MOST_BLOCKS);
             reset();
         }
 
@@ -4720,12 +5286,13 @@ public final class WindwardScheme {
             environment = 0;
             level = -1;
             used = 0;
+            fixed = 0;
             below = 0;
             start = 0;
             form = 0;
             formPlace = 0;
-            put(nodes, 0, 0);
-            put(places, 0, 0);
+            put(levels, NODE, 0);
+            put(levels, PLACE, 0);
         }
 
         /** Begins to evaluate the body of a lambda. */
@@ -4767,6 +5334,7 @@ public final class WindwardScheme {
             if (level >= 0) {
                 history.openWith(frame, answer);
                 finder.forget();
+                fixed = used;
             }
         }
 
@@ -4782,7 +5350,8 @@ public final class WindwardScheme {
         }
 
         void push(long argument) {
-            putWord(stack, used, argument);
+            stack.reach(used + 1);
+            stack.put(used, argument);
             used++;
         }
 
@@ -4841,14 +5410,20 @@ public final class WindwardScheme {
                 return;
             }
             long found = settings.known(around, place);
-            if (found == 0 && !canBeUnknown()) {
-                found = finder.partOf(history.now, History.END, formPlace);
-                if (found == 0) {
-                    return;
+            int setting = found == 0 ? settings.settingOf(around, place) : -1;
+            found = setting < 0 ? found : settings.contentOf(setting);
+            if (Settings.isValue(found)) {
+                give(found);
+            } else if (canBeUnknown()) {
+                give(found == 0 ? Settings.ahead(around, place) : found);
+            } else {
+                long variable = found == 0 ? Settings.ahead(around, place) : found;
+                long looked = finder.variableAhead(Settings.environmentAhead(variable), Settings.placeAhead(variable));
+                if (looked != 0) {
+                    settings.remember(around, place, looked);
+                    give(looked);
                 }
-                settings.remember(around, place, found);
             }
-            give(found);
         }
 
         private int environmentAt(int slot) {
@@ -4861,12 +5436,12 @@ public final class WindwardScheme {
 
         /** Whether nothing looks at the value of the form at hand. */
         private boolean isDropped() {
-            return level < 0 ? history.drops(behind) : (at(nodes, level) & TAG_MASK) == SEQUENCE;
+            return level < 0 ? history.drops(behind) : (levelAt(level, NODE) & TAG_MASK) == SEQUENCE;
         }
 
         /** Whether the value of the form at hand can be found later, if something looks at it. */
         private boolean canBeUnknown() {
-            int node = at(nodes, level);
+            int node = levelAt(level, NODE);
             boolean isSetLocal = (node & TAG_MASK) == OTHER && store.word(program, node >>> SLOT_SHIFT) == SET_LOCAL;
             return level >= 0 && ((node & TAG_MASK) == CALL || isSetLocal);
         }
@@ -4898,12 +5473,16 @@ public final class WindwardScheme {
         /** The value at a height; 0 if it is being looked for. */
         long valueAt(int height) {
             int index = height - below;
-            long plain = index >= used ? 0 : wordAt(stack, index);
-            if (plain == 0) {
-                plain = finder.partOf(history.now, History.END, placeAt(height));
+            long plain = index < 0 || index >= used ? 0 : stack.get(index);
+            if (Settings.isValue(plain)) {
+                return plain;
             }
+            boolean isEarlier = plain == 0 || index < fixed;
+            plain = isEarlier
+                    ? finder.partOf(history.waitedNow(), placeAt(height))
+                    : finder.variableAhead(Settings.environmentAhead(plain), Settings.placeAhead(plain));
             if (plain != 0 && index >= 0) {
-                putWord(stack, index, plain);
+                stack.put(index, plain);
             }
             return plain;
         }
@@ -4911,14 +5490,15 @@ public final class WindwardScheme {
         /** The value at a height, if it is known; otherwise 0. */
         long plainAt(int height) {
             int index = height - below;
-            return index >= used ? 0 : wordAt(stack, index);
+            long plain = index < 0 || index >= used ? 0 : stack.get(index);
+            return Settings.isValue(plain) ? plain : 0;
         }
 
         /** Where the part of a call is in the code whose value is at a height. */
         private int placeAt(int height) {
             for (int i = Math.min(level + 1, LEVELS - 1); i >= 0; i--) {
-                if ((at(nodes, i) & TAG_MASK) == CALL && at(heights, i) <= height) {
-                    return (at(nodes, i) >>> SLOT_SHIFT) + height - at(heights, i);
+                if ((levelAt(i, NODE) & TAG_MASK) == CALL && levelAt(i, HEIGHT) <= height) {
+                    return (levelAt(i, NODE) >>> SLOT_SHIFT) + height - levelAt(i, HEIGHT);
                 }
             }
             return 0;
@@ -4928,22 +5508,22 @@ public final class WindwardScheme {
         private void open(int content) {
             int first = (form & TAG_MASK) == OTHER ? content + 2 : content;
             level++;
-            put(nodes, level, form);
-            put(places, level, formPlace);
-            put(cursors, level, content);
-            put(heights, level, height());
+            putLevel(NODE, form);
+            putLevel(PLACE, formPlace);
+            putLevel(CURSOR, content);
+            putLevel(HEIGHT, height());
             form = store.word(program, first);
             formPlace = first;
         }
 
         /** Takes the value for the form that waits for it. */
         private void take() {
-            int place = at(cursors, level);
-            switch (at(nodes, level) & TAG_MASK) {
+            int place = levelAt(level, CURSOR);
+            switch (levelAt(level, NODE) & TAG_MASK) {
                 case CALL:
                     push(value);
                     if (!isNextBegun(place + 1)) {
-                        start = at(heights, level);
+                        start = levelAt(level, HEIGHT);
                         level--;
                         mode = APPLY;
                     }
@@ -4969,7 +5549,7 @@ public final class WindwardScheme {
         private boolean isNextBegun(int place) {
             int next = store.word(program, place);
             if (next != 0) {
-                put(cursors, level, place);
+                putLevel(CURSOR, place);
                 form = next;
                 formPlace = place;
                 mode = EVALUATE;
@@ -4979,7 +5559,7 @@ public final class WindwardScheme {
 
         private void assign(int kindOfNode, int target) {
             if (kindOfNode == SET_GLOBAL && store.globalValue(target) == 0) {
-                formPlace = at(places, level);
+                formPlace = levelAt(level, PLACE);
                 mode = 'u';
                 return;
             }
@@ -4989,7 +5569,6 @@ public final class WindwardScheme {
                 store.define(target, VARIABLE, value);
                 settings.set(0, target, value);
             }
-            history.noteSetting();
             level--;
             value = NOTHING;
         }
@@ -4998,7 +5577,7 @@ public final class WindwardScheme {
 
         /** The place of the call that is to be applied; 0 if it is none in code. */
         int placeOfCall() {
-            return at(places, level + 1);
+            return levelAt(level + 1, PLACE);
         }
 
         /** The place of the form at hand. */
@@ -5008,7 +5587,7 @@ public final class WindwardScheme {
 
         /** Whether the value of the call that is to be applied will be dropped. */
         boolean dropsValue() {
-            return level >= 0 && (at(nodes, level) & TAG_MASK) == SEQUENCE;
+            return level >= 0 && (levelAt(level, NODE) & TAG_MASK) == SEQUENCE;
         }
 
         /** Leaves the body for an application; what is still to be done in it waits. */
@@ -5018,7 +5597,13 @@ public final class WindwardScheme {
 
         /** Goes on with the body that waits for a value in the END of an interval. */
         void resume(int frame, long given) {
-            history.resume(frame, given);
+            if (history.isOpen) {
+                history.passOn();
+                history.goOnWith(frame, given);
+                settings.pass();
+            } else {
+                history.openWith(frame, given);
+            }
             finder.forget();
             int act = history.actNow();
             reset();
@@ -5042,31 +5627,34 @@ public final class WindwardScheme {
                 boolean isLast = tag == SEQUENCE && store.word(program, content + index + 1) == 0;
                 if (!isLast && (tag != BRANCH || index == 0)) {
                     level++;
-                    put(nodes, level, around);
-                    put(places, level, (outer >>> SLOT_SHIFT) + ((outer & TAG_MASK) == OTHER ? 2 : outerIndex));
-                    put(cursors, level, content + index);
-                    put(heights, level, tag == CALL ? index : 0);
+                    putLevel(NODE, around);
+                    putLevel(PLACE, (outer >>> SLOT_SHIFT) + ((outer & TAG_MASK) == OTHER ? 2 : outerIndex));
+                    putLevel(CURSOR, content + index);
+                    putLevel(HEIGHT, tag == CALL ? index : 0);
                 }
                 around = outer;
                 index = outerIndex;
             }
             for (int i = 0; 2 * i < level; i++) {
-                swap(nodes, i, level - i);
-                swap(places, i, level - i);
-                swap(cursors, i, level - i);
-                swap(heights, i, level - i);
+                for (int j = 0; j < LEVEL; j++) {
+                    int number = levelAt(i, j);
+                    put(levels, i * LEVEL + j, levelAt(level - i, j));
+                    put(levels, (level - i) * LEVEL + j, number);
+                }
             }
             for (int i = 0; i <= level; i++) {
-                int waiting = at(heights, i);
-                put(heights, i, below);
+                int waiting = levelAt(i, HEIGHT);
+                put(levels, i * LEVEL + HEIGHT, below);
                 below += waiting;
             }
         }
 
-        private static void swap(int[] row, int one, int other) {
-            int number = at(row, one);
-            put(row, one, at(row, other));
-            put(row, other, number);
+        private int levelAt(int which, int what) {
+            return at(levels, which * LEVEL + what);
+        }
+
+        private void putLevel(int what, int number) {
+            put(levels, level * LEVEL + what, number);
         }
     }
 
@@ -5082,8 +5670,9 @@ public final class WindwardScheme {
         static final int ENDED = 6;
         static final int ENDED_WITH_VALUE = 7;
         static final int ABANDONED = 8; // winds that were entered when a run ended with an error or another one was begun
-        private static final int APPLICATIONS_OF_RUN = 9;
-        private static final int TALLIES = 10;
+        static final int CALLS_OF_OBJECT = 9;
+        private static final int APPLICATIONS_OF_RUN = 10;
+        private static final int TALLIES = 11;
         private static final byte[] ARGUMENTS = {2, 2, 2, 2, 2, 2, 2, 1, 1, 1, 1, 2, 1, 3, 2, 1, 2, 1, 2, 1};
         private static final int PROCEDURE = 3; // behind the arguments of a primitive
         private static final int ANSWER = 4; // of first and rest; or the list that is applied to
@@ -5094,11 +5683,11 @@ public final class WindwardScheme {
         private static final int APPLY_SYMBOL = 24;
         private static final int NOT_SYMBOL = 25;
         private static final int MOST_ARGUMENTS = 1536; // of a call
-        private static final int WORDS_OF_STEP = 3000;
-        // Arguments and settings that are held as they are, if they are no more than these; others are, now and then, so that
-        // no chain of parts is too long.
+        private static final int WORDS_OF_STEP = 14000;
+        private static final int CALLS = 512;
+        // Arguments that are held as they are, if they are no more than these; others are, now and then, so that no chain of
+        // parts is too long.
         private static final int FEW_ARGUMENTS = 2;
-        private static final int FEW_SETTINGS = 2;
         private static final int LEAST_PARTS = 64;
 
         private final Store store;
@@ -5106,7 +5695,6 @@ public final class WindwardScheme {
         private final Settings settings;
         private final Finder finder;
         private final Body body;
-        private final Area log;
         private final long[] tallies;
         private final long[] arguments; // of a primitive, the procedure, and more
         private final long[] held; // arguments
@@ -5120,17 +5708,19 @@ public final class WindwardScheme {
         private int fuel;
         private int found; // of the procedure and the arguments, for what is applied next
         private int due; // the primitive that changes what is still to be done; or 0
+        private final long[] anchored; // what variables are that an anchor is to have
+        private int anchoredCount;
 
-        Machine(Store store, History history, Settings settings, Finder finder) {
+        Machine(Area room, Store store, History history, Settings settings, Finder finder) {
             this.store = store;
             this.history = history;
             this.settings = settings;
             this.finder = finder;
-            log = history.log;
-            body = new Body(store, history, settings, finder);
+            body = new Body(room, store, history, settings, finder);
             tallies = new long[TALLIES];
             arguments = new long[LENGTH + 1];
             held = new long[MOST_ARGUMENTS];
+            anchored = new long[Settings.MOST_RECENT];
         }
 
         boolean isBegun() {
@@ -5164,7 +5754,7 @@ public final class WindwardScheme {
         }
 
         int countOfHandlers() {
-            return topHandler == 0 ? 0 : (int) (log.get(topHandler) >>> LINK_BITS);
+            return topHandler == 0 ? 0 : (int) (history.word(topHandler) >>> LINK_BITS);
         }
 
         /** Gives up what there was of an earlier run. */
@@ -5179,7 +5769,7 @@ public final class WindwardScheme {
             putWord(tallies, APPLICATIONS_OF_RUN, 0);
             status = 'r';
             if (program == 0 || !hasRoom()) {
-                fail(program == 0 ? wrong : 'o');
+                end(program == 0 ? wrong : 'o');
             } else {
                 int root = store.rootOf(program);
                 history.openBody(program << OFFSET_BITS | root, 0, 0, false, 0);
@@ -5192,6 +5782,12 @@ public final class WindwardScheme {
         /** Lets there be so many applications. */
         void refuel(int units) {
             fuel = units;
+            tellLeft();
+        }
+
+        /** Tells how many applications may still come, as far as the calls of the object tell it. */
+        private void tellLeft() {
+            history.setLeft(fuel + (int) Math.max(0, CALLS - tally(CALLS_OF_OBJECT)) * MAX_FUEL);
         }
 
         /** Goes on with the run; the number of a program that must be expanded for it first, or 0 at the end. */
@@ -5205,6 +5801,7 @@ public final class WindwardScheme {
                     return needed;
                 }
                 if (body.isAtWork()) {
+                    store.makeRoom(store.blocksBeside(body.program), body.program);
                     body.work();
                 } else if (!hasRoom()) {
                     body.mode = 'o';
@@ -5213,6 +5810,9 @@ public final class WindwardScheme {
                 } else if (body.mode == Body.TAKE && body.behind == 0) {
                     finish();
                 } else if (body.mode == Body.TAKE && body.behind < History.SPECIAL) {
+                    if (history.isOpen && history.isSegmentSet() && history.hasSpareInterval()) {
+                        closeInterval(0);
+                    }
                     body.resume(body.behind, body.value);
                 } else if (body.mode == Body.TAKE) {
                     giveToFrame(body.behind - History.SPECIAL);
@@ -5250,9 +5850,8 @@ public final class WindwardScheme {
 
         /** Whether there is room for the next step. */
         private boolean hasRoom() {
-            int words = WORDS_OF_STEP + 2 * settings.count;
-            int interval = history.now + 1;
-            int blocks = history.blocksFor(words) + settings.blocksFor(interval);
+            int interval = history.now + 2;
+            int blocks = history.blocksFor(WORDS_OF_STEP) + settings.blocksFor(interval);
             if (blocks == 0) {
                 return interval < History.MOST_INTERVALS;
             }
@@ -5260,7 +5859,7 @@ public final class WindwardScheme {
             if (isFull || !store.makeRoom(blocks, body.program)) {
                 return false;
             }
-            history.take(words);
+            history.take(WORDS_OF_STEP);
             settings.take(interval);
             return interval < History.MOST_INTERVALS;
         }
@@ -5304,27 +5903,22 @@ public final class WindwardScheme {
             if (!history.isOpen) {
                 return;
             }
-            if (settings.count > 0 && settings.areKnown() && (isFew() || isHeldNow(settings.count))) {
-                history.addExtra(History.SETTINGS_EXTRA, settings.count);
-                for (int i = 0; i < settings.count; i++) {
-                    long key = Finder.keyOfSetting(settings.environmentOf(i), settings.placeOf(i));
-                    history.addTwo(key, settings.contentOf(i));
-                }
+            boolean isAnchored = anchoredCount > 0 && anchoredCount > settings.countOfAnchor();
+            if (isAnchored) {
+                settings.addAnchor(anchored);
             }
-            settings.addFilter();
+            anchoredCount = 0;
             boolean isStopped = errorLetter == 'u';
             int drops = body.dropsValue() ? History.DROPPING : 0;
+            history.addTests(History.END);
+            history.addTests(History.PASSED);
             history.close(isStopped ? body.placeOfForm() : body.placeOfCall(), isStopped ? History.STOPPED : drops);
-            settings.commit(history.now);
-        }
-
-        private boolean isFew() {
-            return settings.count <= FEW_SETTINGS && history.isRoomy();
+            settings.commit(history.now, isAnchored);
         }
 
         /** Whether so many values are held now, where some are, now and then. */
         private boolean isHeldNow(int count) {
-            return history.isRoomyNowAndThen() && (history.now * 0x9E3779B1 >>> 1) % (LEAST_PARTS + count / 2) == 0;
+            return history.isRoomy() && (history.now * 0x9E3779B1 >>> 1) % (LEAST_PARTS + count / 2) == 0;
         }
 
         // ---- what waits
@@ -5335,8 +5929,8 @@ public final class WindwardScheme {
         }
 
         private void giveToFrame(int frame) {
-            long word = log.get(frame);
-            long extra = log.get(frame + 1);
+            long word = history.word(frame);
+            long extra = history.word(frame + 1);
             int subject = (int) (word >>> FRAME_BITS + LINK_BITS) & LINK_MASK;
             body.behind = (int) (word >>> FRAME_BITS) & LINK_MASK;
             switch ((int) word & FRAME_MASK) {
@@ -5378,7 +5972,7 @@ public final class WindwardScheme {
             topWind = aroundOf(wind);
             count(LEFT, 1);
             topHandler = handlersOf(wind);
-            body.applyLater(log.get(wind + 2));
+            body.applyLater(history.word(wind + 2));
         }
 
         // ---- applications
@@ -5405,7 +5999,7 @@ public final class WindwardScheme {
             putWord(arguments, PROCEDURE, procedure);
             found = Math.max(found, 1);
             if (tagOf(procedure) == CLOSURE) {
-                return store.isLoaded(history.programOf(actOf(procedure))) && areArgumentsReady() && areSettingsReady();
+                return store.isLoaded(history.programOf(actOf(procedure))) && areArgumentsReady() && isAnchorReady();
             }
             int symbol = isPrimitive(procedure) ? atomNumber(procedure) : 0;
             int needed = symbol == 0 ? 1 : argumentsOf(symbol);
@@ -5422,7 +6016,7 @@ public final class WindwardScheme {
                 }
                 found++;
             }
-            return areSettingsReady();
+            return isAnchorReady();
         }
 
         private static int argumentsOf(int symbol) {
@@ -5474,19 +6068,43 @@ public final class WindwardScheme {
             return true;
         }
 
-        /** Whether it is known what variables were set to, if that is to be held. */
-        private boolean areSettingsReady() {
-            boolean isHeld = history.isOpen && settings.count > 0 && !settings.areTooMany && isHeldNow(settings.count);
-            for (int i = 0; i < settings.count && isHeld; i++) {
-                if (settings.contentOf(i) == 0) {
-                    long value = finder.variableNow(settings.environmentOf(i), settings.placeOf(i));
-                    if (value == 0) {
-                        return false;
-                    }
-                    settings.setContent(i, value);
+        /** Whether it is known what the variables are that an anchor is to have, if one is due. */
+        private boolean isAnchorReady() {
+            if (anchoredCount == 0 && !(history.isOpen && settings.isAnchorDue())) {
+                return true;
+            }
+            if (anchoredCount == 0) {
+                settings.addRecent();
+                anchoredCount = 1;
+            }
+            int count = settings.countOfAnchor();
+            for (; anchoredCount <= count; anchoredCount++) {
+                int environment = settings.recentEnvironment(anchoredCount - 1);
+                int place = settings.recentPlace(anchoredCount - 1);
+                long value = environment == 0 ? store.globalValue(place) : valueNow(environment, place);
+                if (value == 0 && environment != 0) {
+                    return false;
                 }
+                putWord(anchored, anchoredCount - 1, value == 0 ? NOTHING : value);
             }
             return true;
+        }
+
+        /** What a variable is; 0 if it is being looked for. */
+        private long valueNow(int environment, int place) {
+            long found = settings.known(environment, place);
+            int setting = found == 0 ? settings.settingOf(environment, place) : -1;
+            long content = setting < 0 ? Settings.ahead(environment, place) : settings.contentOf(setting);
+            if (found != 0 || Settings.isValue(content)) {
+                return found != 0 ? found : content;
+            }
+            found = finder.variableAhead(Settings.environmentAhead(content), Settings.placeAhead(content));
+            if (found != 0 && setting >= 0) {
+                settings.setContent(setting, found);
+            } else if (found != 0) {
+                settings.remember(environment, place, found);
+            }
+            return found;
         }
 
         /** Applies the procedure. */
@@ -5494,6 +6112,7 @@ public final class WindwardScheme {
             boolean isFromCode = list == 0 && history.isOpen && body.placeOfCall() != 0;
             closeInterval(0);
             fuel--;
+            tellLeft();
             count(APPLICATIONS, 1);
             count(APPLICATIONS_OF_RUN, 1);
             long procedure = wordAt(arguments, PROCEDURE);
@@ -5677,8 +6296,8 @@ public final class WindwardScheme {
                         body.mode = 'w';
                     } else {
                         int place = prompt - History.SPECIAL;
-                        int target = (int) (log.get(place) >>> FRAME_BITS + LINK_BITS) & LINK_MASK;
-                        jump(target, one, log.get(place + 1));
+                        int target = (int) (history.word(place) >>> FRAME_BITS + LINK_BITS) & LINK_MASK;
+                        jump(target, one, history.word(place + 1));
                     }
                     break;
                 case 28:
@@ -5698,8 +6317,8 @@ public final class WindwardScheme {
             }
             int handler = topHandler;
             push(HANDLER_FRAME, handler, 0);
-            topHandler = (int) log.get(handler) & LINK_MASK;
-            body.applyLater(log.get(handler + 1));
+            topHandler = (int) history.word(handler) & LINK_MASK;
+            body.applyLater(history.word(handler + 1));
             body.push(raised);
         }
 
@@ -5710,7 +6329,7 @@ public final class WindwardScheme {
                 if (frame < History.SPECIAL) {
                     frame = history.behind(history.actOf(frame, History.END));
                 } else {
-                    long word = log.get(frame - History.SPECIAL);
+                    long word = history.word(frame - History.SPECIAL);
                     if ((word & FRAME_MASK) == PROMPT_FRAME) {
                         return frame;
                     }
@@ -5736,19 +6355,19 @@ public final class WindwardScheme {
         }
 
         private int aroundOf(int wind) {
-            return wind == 0 ? 0 : (int) log.get(wind) & LINK_MASK;
+            return wind == 0 ? 0 : (int) history.word(wind) & LINK_MASK;
         }
 
         private int furtherOf(int wind) {
-            return wind == 0 ? 0 : (int) (log.get(wind) >>> LINK_BITS) & LINK_MASK;
+            return wind == 0 ? 0 : (int) (history.word(wind) >>> LINK_BITS) & LINK_MASK;
         }
 
         private int handlersOf(int wind) {
-            return (int) log.get(wind + 3) & LINK_MASK;
+            return (int) history.word(wind + 3) & LINK_MASK;
         }
 
         private int depthOf(int wind) {
-            return wind == 0 ? 0 : (int) (log.get(wind + 3) >>> LINK_BITS);
+            return wind == 0 ? 0 : (int) (history.word(wind + 3) >>> LINK_BITS);
         }
 
         /** Jumps to a continuation, where the value goes on, or is taken by a procedure. */
@@ -5756,7 +6375,7 @@ public final class WindwardScheme {
             count(JUMPS, 1);
             int goal = history.addTwo(target, carried);
             history.add(taker);
-            int winds = (int) (log.get(target) >>> LINK_BITS) & LINK_MASK;
+            int winds = (int) (history.word(target) >>> LINK_BITS) & LINK_MASK;
             body.behind = 0;
             push(JUMP_FRAME, goal, innermostOfBoth(topWind, winds));
             body.end(NOTHING);
@@ -5765,10 +6384,10 @@ public final class WindwardScheme {
         /** The wind at this depth that is around a wind, or is that one. */
         private int windAround(int wind, int depth) {
             int around = wind;
-            for (int i = 0; i < MAX_STEPS && around != 0 && log.get(around + 3) >>> LINK_BITS > depth; i++) {
-                int further = (int) (log.get(around) >>> LINK_BITS) & LINK_MASK;
-                boolean isWithin = (further == 0 ? 0 : log.get(further + 3) >>> LINK_BITS) >= depth;
-                around = isWithin ? further : (int) log.get(around) & LINK_MASK;
+            for (int i = 0; i < MAX_STEPS && around != 0 && history.word(around + 3) >>> LINK_BITS > depth; i++) {
+                int further = (int) (history.word(around) >>> LINK_BITS) & LINK_MASK;
+                boolean isWithin = (further == 0 ? 0 : history.word(further + 3) >>> LINK_BITS) >= depth;
+                around = isWithin ? further : (int) history.word(around) & LINK_MASK;
             }
             return around;
         }
@@ -5786,7 +6405,7 @@ public final class WindwardScheme {
 
         /** Leaves the next wind that the goal is not in, or enters the next one that it is in, or arrives. */
         private void goOnWithJump(int goal, int staying) {
-            long target = log.get((int) log.get(goal));
+            long target = history.word((int) history.word(goal));
             int innermost = (int) (target >>> LINK_BITS) & LINK_MASK;
             body.behind = (int) target & LINK_MASK;
             if (topWind != staying && topWind != 0) {
@@ -5796,10 +6415,10 @@ public final class WindwardScheme {
                 int next = windAround(innermost, depthOf(staying) + 1);
                 push(ENTER_FRAME, goal, next);
                 topHandler = handlersOf(next);
-                body.applyLater(log.get(next + 1));
+                body.applyLater(history.word(next + 1));
             } else {
-                topHandler = (int) log.get((int) log.get(goal) + 1) & LINK_MASK;
-                arrive(log.get(goal + 1), log.get(goal + 2));
+                topHandler = (int) history.word((int) history.word(goal) + 1) & LINK_MASK;
+                arrive(history.word(goal + 1), history.word(goal + 2));
             }
         }
 

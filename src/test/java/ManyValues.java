@@ -416,7 +416,7 @@ public final class ManyValues {
         x.begin(lay(x, "(s53 " + symbols(1, 30, "%d") + " (s5 (s50 0 1 2) (s4 s41 (s10 s41 1)) (s51 s41)))"));
         for (int i = 0; i < 40; i++) due("settings on the way back " + i, x.run(500), 'r');
         due("jumps", x.jumps() > 7000, true);
-        RoomTests.room("settings on the way back", x, 1000000);
+        RoomTests.room("settings on the way back", x, 5000000);
     }
 
     /** What comes out is what comes out of PlainScheme. */

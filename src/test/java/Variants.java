@@ -17,32 +17,41 @@ import java.util.spi.ToolProvider;
  * the project's root. Arguments: how many objects for each copy, the first seed, the copies (if not all of them).
  */
 public final class Variants {
-    private static final String[] LAZY = {"FEW_ARGUMENTS = 2;", "FEW_ARGUMENTS = 0;", "FEW_SETTINGS = 2;", "FEW_SETTINGS = 0;"};
-    private static final String[] NEVER = and(LAZY, "return history.isRoomyNowAndThen() && (history.now", "return history.now < 0 && (history.now");
+    private static final String[] LAZY = {"FEW_ARGUMENTS = 2;", "FEW_ARGUMENTS = 0;"};
+    private static final String[] NEVER = and(LAZY, "return history.isRoomy() && (history.now", "return history.now < 0 && (history.now",
+        "LEAST_ELAPSED + recentCount / 2 && history.isRoomy()", "LEAST_ELAPSED + recentCount / 2 && history.now < 0");
     private static final String[] ALWAYS = {"% (LEAST_PARTS + count / 2) == 0", "% (LEAST_PARTS + count / 2) >= 0"};
-    private static final String[] FORGETFUL = {" LEAST_CACHE = 256;", " LEAST_CACHE = 4;", "MOST_CACHE = 1 << 18;", "MOST_CACHE = 4;",
-        " LEAST_TABLE = 256;", " LEAST_TABLE = 4;", "MOST_KNOWN = 1 << 16;", "MOST_KNOWN = 4;", "MOST_PASSES = 1 << 14;", "MOST_PASSES = 4;",
-        "MOST_WAYS = 1 << 14;", "MOST_WAYS = 4;", " LEAST_WALK = 256;", " LEAST_WALK = 2;", "MOST_WALK = 1 << 15;", "MOST_WALK = 2;"};
-    private static final String[] NO_TESTS = {"MOST_TESTS = 1 << 17;", "MOST_TESTS = 0;", "FEW_TESTS = 21;", "FEW_TESTS = 0;"};
-    private static final String[] MANY_SETTINGS = {" MOST = 2048;", " MOST = 2;", "MOST_KEYS = 24;", "MOST_KEYS = 0;"};
+    private static final String[] NO_CACHE = {" LEAST_CACHE = 256;", " LEAST_CACHE = 4;", "MOST_CACHE = 1 << 18;", "MOST_CACHE = 4;"};
+    private static final String[] FORGETFUL = and(NO_CACHE, " LEAST_TABLE = 256;", " LEAST_TABLE = 4;", "MOST_KNOWN = 1 << 17;", "MOST_KNOWN = 4;",
+        "MOST_PASSES = 1 << 14;", "MOST_PASSES = 4;", "LEAST_RING = 1 << 10;", "LEAST_RING = 1 << 7;", "MOST_RING = 1 << 17;", "MOST_RING = 1 << 7;");
+    private static final String[] NO_TESTS = {"MOST_TESTS = 1 << 17;", "MOST_TESTS = 0;", "FEW_TESTS = 20;", "FEW_TESTS = 0;", "TESTS_OF_WORD = 48;", "TESTS_OF_WORD = 0;"};
+    private static final String[] TESTS_IN_ROWS = {"FEW_TESTS = 20;", "FEW_TESTS = 0;", "TESTS_OF_WORD = 48;", "TESTS_OF_WORD = 1;"};
+    private static final String[] NO_SPARE = {"SPARE_INTERVALS = 64;", "SPARE_INTERVALS = 1 << 20;"};
+    private static final String[] MANY_SETTINGS = {"FORGET = 2048;", "FORGET = 1;", "MOST_KEYS = 24;", "MOST_KEYS = 0;", " MOST_RECENT = 2048;", " MOST_RECENT = 2;"};
+    private static final String[] OFTEN = {"LEAST_ELAPSED = 64;", "LEAST_ELAPSED = 2;", "LEAST_STABLE = 8;", "LEAST_STABLE = 1;"};
 
     private static final Map<String, String[]> CHANGES = new LinkedHashMap<>();
 
     static {
         CHANGES.put("nothing is held", NEVER);
         CHANGES.put("all is held", ALWAYS);
+        CHANGES.put("many anchors", and(LAZY, OFTEN));
+        CHANGES.put("many anchors, no spare intervals", and(and(and(LAZY, OFTEN), NO_SPARE), NO_CACHE));
         CHANGES.put("nothing is remembered", and(NEVER, FORGETFUL));
-        CHANGES.put("no values at hand", and(and(NEVER, FORGETFUL), "MOST_VALUES = 8192;", "MOST_VALUES = 2;"));
-        CHANGES.put("held and forgotten", and(ALWAYS, FORGETFUL));
-        CHANGES.put("tests in nodes", and(and(NEVER, FORGETFUL), "FEW_TESTS = 21;", "FEW_TESTS = 0;", "BITS_OF_NODE = 40;", "BITS_OF_NODE = 2;", " NODES = 16384;", " NODES = 2;", "NODES_SHIFT = 18;", "NODES_SHIFT = 31;"));
+        CHANGES.put("no spare intervals", and(NEVER, NO_SPARE));
+        CHANGES.put("no spare intervals, nothing is remembered", and(and(NEVER, NO_SPARE), FORGETFUL));
+        CHANGES.put("held and forgotten", and(and(ALWAYS, OFTEN), FORGETFUL));
+        CHANGES.put("tests in rows", and(and(NEVER, FORGETFUL), TESTS_IN_ROWS));
+        CHANGES.put("tests in rows, no spare intervals", and(and(and(NEVER, NO_SPARE), NO_CACHE), TESTS_IN_ROWS));
         CHANGES.put("no tests", and(LAZY, NO_TESTS));
-        CHANGES.put("no tests, all is forgotten", and(and(NEVER, NO_TESTS), " LEAST_CACHE = 256;", " LEAST_CACHE = 4;", "MOST_CACHE = 1 << 18;", "MOST_CACHE = 4;"));
-        CHANGES.put("few tasks", and(and(LAZY, NO_TESTS), "MOST_TASKS = 400;", "MOST_TASKS = 4;"));
-        CHANGES.put("full masks", and(and(NEVER, FORGETFUL), "return Math.max(1, hash >>> 26 - 2 * level);", "return 1;"));
-        CHANGES.put("many settings", and(and(NEVER, FORGETFUL), MANY_SETTINGS));
-        CHANGES.put("many settings, walked", and(NEVER, MANY_SETTINGS));
-        CHANGES.put("many settings, walked and forgotten", and(and(NEVER, MANY_SETTINGS), " LEAST_CACHE = 256;", " LEAST_CACHE = 4;", "MOST_CACHE = 1 << 18;", "MOST_CACHE = 4;"));
-        CHANGES.put("many settings, little room", and(and(NEVER, MANY_SETTINGS), "return end < SPARE + SPARE_OF_INTERVAL * now;", "return end < 200;"));
+        CHANGES.put("no tests, no cache", and(and(NEVER, NO_TESTS), NO_CACHE));
+        CHANGES.put("no tests, no spare intervals", and(and(and(NEVER, NO_TESTS), NO_CACHE), NO_SPARE));
+        CHANGES.put("few tasks", and(and(LAZY, NO_TESTS), "MOST_TASKS = 64;", "MOST_TASKS = 3;"));
+        CHANGES.put("full masks", and(and(NEVER, FORGETFUL), "return level == 0 ? 1 + (hash >>> 8) % OWN_BITS : Math.max(1, hash >>> 26 - 2 * level);", "return 1;"));
+        CHANGES.put("many settings", and(and(and(NEVER, NO_CACHE), NO_SPARE), MANY_SETTINGS));
+        CHANGES.put("many settings, many anchors", and(and(and(OFTEN, NO_CACHE), NO_SPARE), MANY_SETTINGS));
+        CHANGES.put("many settings, no tests", and(and(and(and(NEVER, NO_TESTS), NO_CACHE), NO_SPARE), MANY_SETTINGS));
+        CHANGES.put("little room", and(and(NEVER, NO_CACHE), "< MOST_OF_HISTORY * BLOCK_WORDS;", "< 0;"));
         CHANGES.put("few images", and(NEVER, "FEW_BLOCKS = 600;", "FEW_BLOCKS = 1;", "Math.min(MOST_BLOCKS, 2 * mostOfImages)", "mostOfImages"));
     }
 
@@ -78,8 +87,9 @@ public final class Variants {
             System.out.println(name + " ..");
             loader.loadClass("RandomRuns").getMethod("main", String[].class).invoke(null, (Object) new String[] {objects, seed});
             // Images that are given up at once take too long for many frames of several programs.
-            String deep = name.equals("few images") ? "2" : name.contains("forgotten") || name.equals("few tasks") ? "30" : "120";
+            String deep = name.equals("few images") ? "2" : name.contains("forgotten") || name.contains("remembered") || name.contains("no tests") || name.equals("few tasks") ? "30" : "120";
             loader.loadClass("DeepRuns").getMethod("main", String[].class).invoke(null, (Object) new String[] {objects, seed, deep});
+            System.out.println(".. " + name);
         } catch (ReflectiveOperationException e) {
             e.printStackTrace();
             System.exit(1);
