@@ -5278,6 +5278,7 @@ public final class WindwardScheme {
             this.finder = finder;
             levels = new int[LEVELS * LEVEL];
             stack = new Area(room, MOST_BLOCKS);
+            stack.reach(1);
             reset();
         }
 
@@ -5350,7 +5351,6 @@ public final class WindwardScheme {
         }
 
         void push(long argument) {
-            stack.reach(used + 1);
             stack.put(used, argument);
             used++;
         }
@@ -5521,6 +5521,7 @@ public final class WindwardScheme {
             int place = levelAt(level, CURSOR);
             switch (levelAt(level, NODE) & TAG_MASK) {
                 case CALL:
+                    stack.reach(used + 1);
                     push(value);
                     if (!isNextBegun(place + 1)) {
                         start = levelAt(level, HEIGHT);
@@ -5754,7 +5755,7 @@ public final class WindwardScheme {
         }
 
         int countOfHandlers() {
-            return topHandler == 0 ? 0 : (int) (history.word(topHandler) >>> LINK_BITS);
+            return topHandler == 0 ? 0 : (int) (history.log.get(topHandler) >>> LINK_BITS);
         }
 
         /** Gives up what there was of an earlier run. */
@@ -5929,8 +5930,8 @@ public final class WindwardScheme {
         }
 
         private void giveToFrame(int frame) {
-            long word = history.word(frame);
-            long extra = history.word(frame + 1);
+            long word = history.log.get(frame);
+            long extra = history.log.get(frame + 1);
             int subject = (int) (word >>> FRAME_BITS + LINK_BITS) & LINK_MASK;
             body.behind = (int) (word >>> FRAME_BITS) & LINK_MASK;
             switch ((int) word & FRAME_MASK) {
@@ -5972,7 +5973,7 @@ public final class WindwardScheme {
             topWind = aroundOf(wind);
             count(LEFT, 1);
             topHandler = handlersOf(wind);
-            body.applyLater(history.word(wind + 2));
+            body.applyLater(history.log.get(wind + 2));
         }
 
         // ---- applications
@@ -6296,8 +6297,8 @@ public final class WindwardScheme {
                         body.mode = 'w';
                     } else {
                         int place = prompt - History.SPECIAL;
-                        int target = (int) (history.word(place) >>> FRAME_BITS + LINK_BITS) & LINK_MASK;
-                        jump(target, one, history.word(place + 1));
+                        int target = (int) (history.log.get(place) >>> FRAME_BITS + LINK_BITS) & LINK_MASK;
+                        jump(target, one, history.log.get(place + 1));
                     }
                     break;
                 case 28:
@@ -6317,8 +6318,8 @@ public final class WindwardScheme {
             }
             int handler = topHandler;
             push(HANDLER_FRAME, handler, 0);
-            topHandler = (int) history.word(handler) & LINK_MASK;
-            body.applyLater(history.word(handler + 1));
+            topHandler = (int) history.log.get(handler) & LINK_MASK;
+            body.applyLater(history.log.get(handler + 1));
             body.push(raised);
         }
 
@@ -6329,7 +6330,7 @@ public final class WindwardScheme {
                 if (frame < History.SPECIAL) {
                     frame = history.behind(history.actOf(frame, History.END));
                 } else {
-                    long word = history.word(frame - History.SPECIAL);
+                    long word = history.log.get(frame - History.SPECIAL);
                     if ((word & FRAME_MASK) == PROMPT_FRAME) {
                         return frame;
                     }
@@ -6355,19 +6356,19 @@ public final class WindwardScheme {
         }
 
         private int aroundOf(int wind) {
-            return wind == 0 ? 0 : (int) history.word(wind) & LINK_MASK;
+            return wind == 0 ? 0 : (int) history.log.get(wind) & LINK_MASK;
         }
 
         private int furtherOf(int wind) {
-            return wind == 0 ? 0 : (int) (history.word(wind) >>> LINK_BITS) & LINK_MASK;
+            return wind == 0 ? 0 : (int) (history.log.get(wind) >>> LINK_BITS) & LINK_MASK;
         }
 
         private int handlersOf(int wind) {
-            return (int) history.word(wind + 3) & LINK_MASK;
+            return (int) history.log.get(wind + 3) & LINK_MASK;
         }
 
         private int depthOf(int wind) {
-            return wind == 0 ? 0 : (int) (history.word(wind + 3) >>> LINK_BITS);
+            return wind == 0 ? 0 : (int) (history.log.get(wind + 3) >>> LINK_BITS);
         }
 
         /** Jumps to a continuation, where the value goes on, or is taken by a procedure. */
@@ -6375,7 +6376,7 @@ public final class WindwardScheme {
             count(JUMPS, 1);
             int goal = history.addTwo(target, carried);
             history.add(taker);
-            int winds = (int) (history.word(target) >>> LINK_BITS) & LINK_MASK;
+            int winds = (int) (history.log.get(target) >>> LINK_BITS) & LINK_MASK;
             body.behind = 0;
             push(JUMP_FRAME, goal, innermostOfBoth(topWind, winds));
             body.end(NOTHING);
@@ -6384,10 +6385,10 @@ public final class WindwardScheme {
         /** The wind at this depth that is around a wind, or is that one. */
         private int windAround(int wind, int depth) {
             int around = wind;
-            for (int i = 0; i < MAX_STEPS && around != 0 && history.word(around + 3) >>> LINK_BITS > depth; i++) {
-                int further = (int) (history.word(around) >>> LINK_BITS) & LINK_MASK;
-                boolean isWithin = (further == 0 ? 0 : history.word(further + 3) >>> LINK_BITS) >= depth;
-                around = isWithin ? further : (int) history.word(around) & LINK_MASK;
+            for (int i = 0; i < MAX_STEPS && around != 0 && history.log.get(around + 3) >>> LINK_BITS > depth; i++) {
+                int further = (int) (history.log.get(around) >>> LINK_BITS) & LINK_MASK;
+                boolean isWithin = (further == 0 ? 0 : history.log.get(further + 3) >>> LINK_BITS) >= depth;
+                around = isWithin ? further : (int) history.log.get(around) & LINK_MASK;
             }
             return around;
         }
@@ -6405,7 +6406,7 @@ public final class WindwardScheme {
 
         /** Leaves the next wind that the goal is not in, or enters the next one that it is in, or arrives. */
         private void goOnWithJump(int goal, int staying) {
-            long target = history.word((int) history.word(goal));
+            long target = history.log.get((int) history.log.get(goal));
             int innermost = (int) (target >>> LINK_BITS) & LINK_MASK;
             body.behind = (int) target & LINK_MASK;
             if (topWind != staying && topWind != 0) {
@@ -6415,10 +6416,10 @@ public final class WindwardScheme {
                 int next = windAround(innermost, depthOf(staying) + 1);
                 push(ENTER_FRAME, goal, next);
                 topHandler = handlersOf(next);
-                body.applyLater(history.word(next + 1));
+                body.applyLater(history.log.get(next + 1));
             } else {
-                topHandler = (int) history.word((int) history.word(goal) + 1) & LINK_MASK;
-                arrive(history.word(goal + 1), history.word(goal + 2));
+                topHandler = (int) history.log.get((int) history.log.get(goal) + 1) & LINK_MASK;
+                arrive(history.log.get(goal + 1), history.log.get(goal + 2));
             }
         }
 
