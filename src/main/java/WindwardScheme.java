@@ -3184,7 +3184,10 @@ public final class WindwardScheme {
         private static final int OWN_BITS = 44; // of the mask of an interval, besides the first one
         private static final int KEY_BITS = 12;
         private static final int LEAST_CACHE = 256;
-        private static final int MOST_CACHE = 1 << 18; // words; entries have two of them, and there are two in a row
+        private static final int MOST_CACHE = 1 << 18; // words; entries have two of them
+        private static final int WAYS = 4; // entries of a row
+        private static final int OTHER_SHIFT = 16;
+        private static final long LASTING = 1L << 40;
         static final int MOST_RECENT = 2048;
         private static final int RECENT_SHIFT = 20;
         private static final int LEAST_ELAPSED = 64;
@@ -3210,6 +3213,7 @@ public final class WindwardScheme {
         // What variables are now, as far as it is remembered.
         private long[] cache;
         private int cached;
+        boolean isMerging; // settings are no longer found soon, if a body ends behind them
         private final Area masks;
 
         Settings(Area room, History history) {
@@ -3233,7 +3237,7 @@ public final class WindwardScheme {
             return (hash ^ hash >>> 15) * 0x2C1B3C6D;
         }
 
-        private static int keyOf(int environment, int place) {
+        static int keyOf(int environment, int place) {
             return environment << KEY_BITS | place;
         }
 
@@ -3362,7 +3366,8 @@ public final class WindwardScheme {
                 entries.release();
             }
             base = -1;
-            if (cached > cache.length >> 1 && cache.length < MOST_CACHE) {
+            isMerging = !history.hasSpareInterval();
+            if (cached > cache.length >> 2 && cache.length < MOST_CACHE) {
                 growCache();
             }
         }
@@ -3522,40 +3527,50 @@ public final class WindwardScheme {
         // ---- what is remembered
 
         private int rowOf(int hash) {
-            return (hash & (cache.length >> 2) - 1) << 2;
+            return (hash & (cache.length >> 3) - 1) << 3;
         }
 
         /** What a variable is now; 0 if that is not remembered. */
         long known(int environment, int place) {
-            int row = rowOf(hashOf(environment, place));
-            long key = keyOf(environment, place);
-            if (wordAt(cache, row) == key) {
-                return wordAt(cache, row + 1);
+            int hash = hashOf(environment, place);
+            int key = keyOf(environment, place);
+            int row = rowOf(hash);
+            for (int i = 0; i < 2 * WAYS; i++) {
+                if ((int) wordAt(cache, row) == key) {
+                    return wordAt(cache, row + 1);
+                }
+                row = i == WAYS - 1 ? rowOf(hash >>> OTHER_SHIFT) : row + 2;
             }
-            long found = wordAt(cache, row + 2) == key ? wordAt(cache, row + 3) : 0;
-            if (found != 0) {
-                // What is looked at stays longer.
-                putWord(cache, row + 2, wordAt(cache, row));
-                putWord(cache, row + 3, wordAt(cache, row + 1));
-                putWord(cache, row, key);
-                putWord(cache, row + 1, found);
-            }
-            return found;
+            return 0;
         }
 
-        /** Lets it be remembered what a variable is now; 0 lets it be forgotten. */
+        /**
+         * Lets it be remembered what a variable is now; 0 lets it be forgotten. There are two rows in which it can be. What
+         * could not be found soon takes no other one's place that could not be found soon either, if there is another.
+         */
         void remember(int environment, int place, long value) {
-            int row = rowOf(hashOf(environment, place));
+            int hash = hashOf(environment, place);
             long key = keyOf(environment, place);
-            if (wordAt(cache, row) != key) {
-                if (wordAt(cache, row + 2) != key) {
-                    cached++;
+            int row = rowOf(hash);
+            int loose = -1;
+            int last = row + 2 * WAYS - 2;
+            for (int i = 0; i < 2 * WAYS; i++) {
+                long found = wordAt(cache, row);
+                if ((int) found == key) {
+                    putWord(cache, row, isMerging && value != 0 ? key | LASTING : found);
+                    putWord(cache, row + 1, value);
+                    return;
                 }
-                putWord(cache, row + 2, wordAt(cache, row));
-                putWord(cache, row + 3, wordAt(cache, row + 1));
-                putWord(cache, row, key);
+                boolean isBetter = loose < 0 || wordAt(cache, loose) != 0 && found == 0;
+                loose = isBetter && (found & LASTING) == 0 ? row : loose;
+                row = i == WAYS - 1 ? rowOf(hash >>> OTHER_SHIFT) : row + 2;
             }
-            putWord(cache, row + 1, value);
+            if (value != 0) {
+                row = loose < 0 ? last : loose;
+                cached++;
+                putWord(cache, row, isMerging ? key | LASTING : key);
+                putWord(cache, row + 1, value);
+            }
         }
 
         /** Lets more be remembered, if there is much. */
@@ -3563,7 +3578,7 @@ public final class WindwardScheme {
             long[] before = cache;
             cache = new long[4 * before.length];
             cached = 0;
-            for (int i = before.length - 2; i >= 0; i -= 2) {
+            for (int i = 0; i + 1 < before.length; i += 2) {
                 int key = (int) wordAt(before, i);
                 if (key != 0) {
                     remember(key >>> KEY_BITS, key & (1 << KEY_BITS) - 1, wordAt(before, i + 1));
@@ -3686,13 +3701,15 @@ public final class WindwardScheme {
         static final int TESTS = 2;
         private static final int HEADS = 1024;
         private static final int HEADS_SHIFT = 22;
-        private static final int NEXT_SHIFT = 20;
-        private static final int VARIABLE_BITS = (1 << 20) - 1;
+        private static final int NEXT_SHIFT = 32;
+        static final int COMPOSED = 1 << 31; // in the key of a variable that is told by its environment and place
         private static final int LEAST_RING = 1 << 10;
         private static final int MOST_RING = 1 << 17;
         private static final int INDEX = 1 << 12;
         private static final int INDEX_SHIFT = 20;
         private static final int HEAD_WORDS = 3;
+        private static final long KEY_MASK = 0xFFFFFFFFL;
+        private static final long IS_THERE = 1L << 40;
         private static final int PLACES = 2;
         private static final int WRITTEN = 4;
         private static final int MOST_LEVELS = 1 << 14; // words
@@ -3773,7 +3790,7 @@ public final class WindwardScheme {
         void cut(int levelsLeft, int partsLeft, int setsLeft) {
             for (int i = setCount - 1; i >= setsLeft; i--) {
                 long word = sets.get(2 * i);
-                put(heads, headOf((int) word & VARIABLE_BITS), (int) (word >>> NEXT_SHIFT));
+                put(heads, headOf((int) word), (int) (word >>> NEXT_SHIFT));
             }
             setCount = Math.min(setCount, setsLeft);
             partCount = Math.min(partCount, partsLeft);
@@ -3846,15 +3863,17 @@ public final class WindwardScheme {
                     evaluate();
                 } else if (levelCount <= firstLevel) {
                     return DONE;
-                } else if (((int) wordAt(levels, 2 * levelCount - 2) & TAG_MASK) != BRANCH) {
-                    if (takeValue() != GOING) {
+                } else {
+                    long level = wordAt(levels, 2 * levelCount - 2);
+                    int tag = (int) level & TAG_MASK;
+                    if (tag == BRANCH && seen >= tests) {
+                        return TESTED;
+                    } else if (tag == BRANCH) {
+                        choose(history.isLoadedTest(seen));
+                        seen++;
+                    } else if ((tag == OTHER ? assign((int) (level >>> 32)) : takeValue(level)) != GOING) {
                         return DONE;
                     }
-                } else if (seen < tests) {
-                    choose(history.isLoadedTest(seen));
-                    seen++;
-                } else {
-                    return TESTED;
                 }
             }
             return DONE;
@@ -3908,29 +3927,24 @@ public final class WindwardScheme {
         }
 
         private void giveVariable(int variable) {
-            int set = settingOf(variable);
+            int set = settingOf(variable, firstSet);
             give(set < 0 ? AHEAD | (long) variable << CONTENT_SHIFT : sets.get(2 * set + 1));
         }
 
-        private int takeValue() {
-            long level = wordAt(levels, 2 * levelCount - 2);
+        /** Takes the value for the call or sequence that waits for it. */
+        private int takeValue(long level) {
             int cursor = (int) (level >>> 32);
-            switch ((int) level & TAG_MASK) {
-                case CALL:
-                    parts.reach(partCount + 1);
-                    parts.put(partCount, value);
-                    partCount++;
-                    putWord(levels, 2 * levelCount - 2, level + (1L << 32));
-                    goTo(cursor + 1);
-                    return form == 0 ? DONE : GOING;
-                case SEQUENCE:
-                    putWord(levels, 2 * levelCount - 2, level + (1L << 32));
-                    levelCount -= store.word(program, cursor + 2) == 0 ? 1 : 0;
-                    goTo(cursor + 1);
-                    return GOING;
-                default:
-                    return assign(cursor);
+            boolean isCall = ((int) level & TAG_MASK) == CALL;
+            putWord(levels, 2 * levelCount - 2, level + (1L << 32));
+            if (isCall) {
+                parts.reach(partCount + 1);
+                parts.put(partCount, value);
+                partCount++;
+            } else {
+                levelCount -= store.word(program, cursor + 2) == 0 ? 1 : 0;
             }
+            goTo(cursor + 1);
+            return isCall && form == 0 ? DONE : GOING;
         }
 
         private int assign(int node) {
@@ -3944,29 +3958,38 @@ public final class WindwardScheme {
             int variable = isLocal
                     ? target >>> SLOT_SHIFT & VARIABLE_MASK | target >>> DEPTH_OUT_SHIFT << OUT_SHIFT
                     : target | GLOBAL_OUT << OUT_SHIFT;
-            int set = settingOf(variable);
-            if (set < 0) {
-                set = setCount;
-                sets.reach(2 * setCount + 2);
-                sets.put(2 * set, variable | (long) at(heads, headOf(variable)) << NEXT_SHIFT);
-                put(heads, headOf(variable), set + 1);
-                setCount++;
-            }
-            sets.put(2 * set + 1, value);
+            note(variable, value, firstSet);
             levelCount--;
             give(NOTHING);
             return GOING;
         }
 
-        private static int headOf(int variable) {
-            return variable * 0x9E3779B1 >>> HEADS_SHIFT;
+        private static int headOf(int key) {
+            return key * 0x9E3779B1 >>> HEADS_SHIFT;
         }
 
-        private int settingOf(int variable) {
-            int set = at(heads, headOf(variable)) - 1;
-            for (int i = 0; i < MAX_STEPS && set >= firstSet; i++) {
+        /** Notes what a variable is set to, among settings from one on. */
+        private void note(int key, long word, int first) {
+            int head = headOf(key);
+            int set = at(heads, head) - 1;
+            for (int i = 0; i < MAX_STEPS && set >= first && (int) sets.get(2 * set) != key; i++) {
+                set = (int) (sets.get(2 * set) >>> NEXT_SHIFT) - 1;
+            }
+            if (set < first) {
+                set = setCount;
+                sets.reach(2 * setCount + 2);
+                sets.put(2 * set, key & KEY_MASK | (long) at(heads, head) << NEXT_SHIFT);
+                put(heads, head, set + 1);
+                setCount++;
+            }
+            sets.put(2 * set + 1, word);
+        }
+
+        private int settingOf(int key, int first) {
+            int set = at(heads, headOf(key)) - 1;
+            for (int i = 0; i < MAX_STEPS && set >= first; i++) {
                 long word = sets.get(2 * set);
-                if (((int) word & VARIABLE_BITS) == variable) {
+                if ((int) word == key) {
                     return set;
                 }
                 set = (int) (word >>> NEXT_SHIFT) - 1;
@@ -3976,7 +3999,43 @@ public final class WindwardScheme {
 
         /** What a variable is set to in the walk at hand. */
         long settingNow(int variable) {
-            int set = settingOf(variable);
+            int set = settingOf(variable, firstSet);
+            return set < 0 ? NOT_SET : sets.get(2 * set + 1);
+        }
+
+        // ---- bodies one behind the other
+
+        /** How many variables are set in the walk at hand. */
+        int countOfSettings() {
+            return setCount - firstSet;
+        }
+
+        int variableAt(int index) {
+            return (int) sets.get(2 * (firstSet + index));
+        }
+
+        long wordOf(int index) {
+            return sets.get(2 * (firstSet + index) + 1);
+        }
+
+        /** Puts by what was ahead of all bodies what a variable of the walk at hand is set to, until that is composed. */
+        void tell(int index, int key, long word) {
+            parts.reach(partCount + 2 * index + 2);
+            parts.put(partCount + 2 * index, key);
+            parts.put(partCount + 2 * index + 1, word);
+        }
+
+        /** Lets so many settings that were told take the place of those of the walk at hand, among those from one on. */
+        void compose(int count, int first) {
+            cut(firstLevel, partCount, firstSet);
+            for (int i = 0; i < count; i++) {
+                note((int) parts.get(partCount + 2 * i) | COMPOSED, parts.get(partCount + 2 * i + 1), first);
+            }
+        }
+
+        /** What a variable is set to in all bodies up to now, among settings from one on. */
+        long composedSetting(int key, int first) {
+            int set = settingOf(key | COMPOSED, first);
             return set < 0 ? NOT_SET : sets.get(2 * set + 1);
         }
 
@@ -4053,9 +4112,9 @@ public final class WindwardScheme {
             return place;
         }
 
-        /** Keeps what variables are set to in the walk at hand. */
-        void keepSets(long start, long tests) {
-            int count = setCount - firstSet;
+        /** Keeps what variables are set to, from one setting on. */
+        void keepSets(long start, long tests, int first) {
+            int count = setCount - first;
             int size = count == 0 ? 0 : 1;
             for (int i = 0; i < 30 && size < count + count / 4; i++) {
                 size *= 2;
@@ -4064,24 +4123,24 @@ public final class WindwardScheme {
             for (int i = 0; i < 2 * size && place >= 0; i++) {
                 putRing(0, place + HEAD_WORDS + i, 0);
             }
-            for (int i = firstSet; i < setCount && place >= 0; i++) {
-                int variable = (int) sets.get(2 * i) & VARIABLE_BITS;
-                int row = variable * 0x9E3779B1 >>> 8 & size - 1;
+            for (int i = first; i < setCount && place >= 0; i++) {
+                int key = (int) sets.get(2 * i);
+                int row = key * 0x9E3779B1 >>> 8 & size - 1;
                 for (int j = 0; j < size && ringWord(0, place + HEAD_WORDS + 2 * row) != 0; j++) {
                     row = row + 1 & size - 1;
                 }
-                putRing(0, place + HEAD_WORDS + 2 * row, variable + 1);
+                putRing(0, place + HEAD_WORDS + 2 * row, key & KEY_MASK | IS_THERE);
                 putRing(0, place + HEAD_WORDS + 2 * row + 1, sets.get(2 * i + 1));
             }
         }
 
         /** What a variable is set to, by what is kept. */
-        long keptSetting(long place, int variable) {
+        long keptSetting(long place, int key) {
             int size = (int) ringWord(0, place + 2) / 2;
-            int row = variable * 0x9E3779B1 >>> 8 & size - 1;
+            int row = key * 0x9E3779B1 >>> 8 & size - 1;
             for (int i = 0; i < size; i++) {
                 long found = ringWord(0, place + HEAD_WORDS + 2 * row);
-                if (found == variable + 1) {
+                if (found != 0 && (int) found == key) {
                     return ringWord(0, place + HEAD_WORDS + 2 * row + 1);
                 }
                 if (found == 0) {
@@ -4229,11 +4288,14 @@ public final class WindwardScheme {
         private static final int TEST_PLACE = 33;
         private static final int TEST_LIMIT = 34;
         private static final int IS_SET = 35; // what a walk told is what the variable is set to
-        private static final int TASK = 36;
+        private static final int IS_LARGE = 36; // not all is known that was set in the bodies passed
+        private static final int SETS_OF_BODY = 37; // where those of the body at hand begin
+        private static final int TASK = 38;
         private static final int HIT = 0;
         private static final int CARRIED = 1;
         private static final int TOLD = 2; // by a walk
-        private static final int TASK_WORDS = 3;
+        private static final int CARRIED_WHOLE = 3; // as CARRIED, by what was ahead of all bodies that were passed
+        private static final int TASK_WORDS = 4;
         // Stages.
         private static final int AT_PART = 0;
         private static final int AT_VARIABLE = 1;
@@ -4261,6 +4323,7 @@ public final class WindwardScheme {
         private static final int MOST_PASSES = 1 << 14;
         private static final int MOST_SCRATCH = 600; // blocks
         private static final int FEW_SCRATCH = 32;
+        private static final int MOST_COMPOSED = 1 << 17;
         private static final int TAIL_STEP = 32;
 
         private final Store store;
@@ -4332,7 +4395,7 @@ public final class WindwardScheme {
         }
 
         boolean isBusy() {
-            return depth > 0 || asked != 0;
+            return depth > 0 || asked != 0 || pendingUsed >= ROOTS;
         }
 
         int takeWanted() {
@@ -4364,6 +4427,9 @@ public final class WindwardScheme {
             growPasses();
             if (asked != 0) {
                 beginAsked();
+            }
+            if (depth == 0 && pendingUsed >= ROOTS) {
+                beginPending();
             }
             for (long i = 0; i < MAX_TURNS && depth > 0 && wanted == 0; i++) {
                 long found = 0;
@@ -4399,7 +4465,9 @@ public final class WindwardScheme {
                         if (walker.work() == Walker.TESTED) {
                             lookAtTest();
                         } else if (noted(SEGMENT) == History.PASSED) {
-                            found = endBody();
+                            endBody();
+                            compose();
+                            found = isBehindAll() ? endBodies() : 0;
                         } else {
                             endWalk();
                         }
@@ -4411,13 +4479,16 @@ public final class WindwardScheme {
                     beginPending();
                 }
             }
+            giveRoom();
+        }
+
+        /** Gives up what is taken for walks, if it is much and there are none, or if a program that is wanted may need it. */
+        private void giveRoom() {
             if (walker.blocks() > FEW_SCRATCH && depth == 0) {
                 walker.release();
             } else if (walker.blocks() > MOST_SCRATCH && wanted != 0) {
-                // The program may need the room.
                 putOff();
                 walker.release();
-                beginPending();
             }
         }
 
@@ -4941,13 +5012,25 @@ public final class WindwardScheme {
             }
             note(SEGMENT, segment);
             note(PURPOSE, Walker.SETS);
-            long kept = act == 0 ? -1 : walker.kept(Walker.SETS, startOf(interval, segment), testsOf(interval, segment));
+            boolean isPassed = segment == History.PASSED;
+            long start = isPassed ? segment : startOf(interval, segment);
+            long tests = isPassed ? OF_INTERVAL | interval : testsOf(interval, segment);
+            long kept = isPassed && noted(LIMIT) != ALL ? -1 : walker.kept(Walker.SETS, start, tests);
             if (kept < 0) {
                 note(STAGE, AT_BEGIN);
                 note(FRAME, 0);
                 return 0;
             }
-            takeSetting(walker.keptSetting(kept, noted(PLACE) | out << Walker.OUT_SHIFT));
+            int key = isPassed ? Settings.keyOf(noted(ENVIRONMENT), noted(PLACE)) | Walker.COMPOSED : noted(PLACE) | out << Walker.OUT_SHIFT;
+            long set = walker.keptSetting(kept, key);
+            if (isPassed && set != Walker.NOT_SET) {
+                noteSet();
+                if (!Settings.isValue(set)) {
+                    lookFor(Settings.environmentAhead(set), Settings.placeAhead(set), FROM_START, ALL);
+                }
+                return Settings.isValue(set) ? set : 0;
+            }
+            takeSetting(set);
             return 0;
         }
 
@@ -5014,7 +5097,9 @@ public final class WindwardScheme {
                 note(BODY, 0);
                 note(HIT_BODY, NONE);
                 note(CARRIED_BODY, 0);
+                note(IS_LARGE, 0);
                 noteWord(CARRIED, history.firstGiftOf(interval));
+                noteWord(CARRIED_WHOLE, history.firstGiftOf(interval));
             }
             int waited = isPassed ? noted(FRAME) : segment == History.END ? history.waitedOf(interval) : 0;
             int act = isPassed ? history.actOf(waited, History.END) : history.actOf(interval, segment);
@@ -5031,6 +5116,7 @@ public final class WindwardScheme {
                 loadTests(interval, segment);
             }
             store.makeRoom(store.blocksBeside(program), program);
+            note(SETS_OF_BODY, walker.setCount);
             int place = waited == 0 ? 0 : history.placeOf(waited);
             int limit = isStopped(interval, segment) ? history.placeOf(interval) : 0;
             walker.beginAt(program, history.codeOf(act) & OFFSET_MASK, place, limit);
@@ -5054,13 +5140,18 @@ public final class WindwardScheme {
             long word = walker.value;
             int body = noted(BODY);
             if (word == Walker.GIFT) {
-                word = isPassed ? notedWord(CARRIED) : history.giftOf(interval);
-                body = noted(CARRIED_BODY);
+                word = isPassed ? notedWord(isComposed() ? CARRIED_WHOLE : CARRIED) : history.giftOf(interval);
+                body = isComposed() ? 0 : noted(CARRIED_BODY);
             } else if (((int) word & Walker.SORT_MASK) == Walker.AHEAD) {
                 int variable = (int) (word >>> Walker.CONTENT_SHIFT);
                 int act = isPassed ? history.actOf(noted(FRAME), History.END) : history.actOf(interval, segment);
                 int environment = environmentOf(act, variable >>> Walker.OUT_SHIFT);
                 word = Settings.ahead(environment, variable & VARIABLE_MASK);
+                if (isPassed && isComposed()) {
+                    long composed = walker.composedSetting(Settings.keyOf(environment, variable & VARIABLE_MASK), noted(SETS_BELOW));
+                    word = composed == Walker.NOT_SET ? word : composed;
+                    body = 0;
+                }
             } else {
                 word = word == FALSE ? FALSE : TRUE;
             }
@@ -5084,7 +5175,7 @@ public final class WindwardScheme {
             int program = history.programOf(act);
             if (isLoaded(program)) {
                 int limit = isStopped(noted(LOOKED), noted(SEGMENT)) ? history.placeOf(noted(LOOKED)) : 0;
-                walker.take(noted(LEVELS_BELOW), noted(SETS_BELOW), program, limit);
+                walker.take(noted(LEVELS_BELOW), noted(SETS_OF_BODY), program, limit);
                 noteTest(noted(OUTCOME) != 0);
                 walker.choose(noted(OUTCOME) != 0);
                 note(STAGE, AT_WALK);
@@ -5093,11 +5184,10 @@ public final class WindwardScheme {
 
         private void noteTest(boolean holds) {
             int seen = noted(SEEN);
-            if (noted(SEGMENT) == History.PASSED) {
+            if (noted(SEGMENT) == History.PASSED && !isComposed()) {
                 know(keyOf(TEST, noted(LOOKED), seen, History.PASSED), holds ? TRUE : FALSE);
-            } else {
-                History.putBit(bits, (noted(BITS) << 6) + seen, holds ? 1 : 0);
             }
+            History.putBit(bits, (noted(BITS) << 6) + seen, holds ? 1 : 0);
             note(SEEN, seen + 1);
         }
 
@@ -5119,7 +5209,7 @@ public final class WindwardScheme {
             } else {
                 int out = depthOf(history.environmentOf(history.actOf(interval, segment)), noted(ENVIRONMENT));
                 told = walker.settingNow(noted(PLACE) | out << Walker.OUT_SHIFT);
-                walker.keepSets(start, tests);
+                walker.keepSets(start, tests, noted(SETS_BELOW));
             }
             walker.cut(noted(LEVELS_BELOW), noted(PARTS_BELOW), noted(SETS_BELOW));
             if (isPart) {
@@ -5139,9 +5229,47 @@ public final class WindwardScheme {
             return ((int) word & Walker.SORT_MASK) == Walker.MADE ? closure(content, act, noted(LOOKED)) : word;
         }
 
-        /** Goes on behind a body that was passed, to the one that went on with its value. */
-        private long endBody() {
-            int interval = noted(LOOKED);
+        /** Whether all that was set in the bodies passed up to now is known, by what was ahead of them. */
+        private boolean isComposed() {
+            return noted(IS_LARGE) == 0;
+        }
+
+        /** A word of a body that was passed, by what was ahead of all of them. */
+        private long wordOfAll(long word, int act) {
+            int content = (int) (word >>> Walker.CONTENT_SHIFT);
+            switch ((int) word & Walker.SORT_MASK) {
+                case Walker.GIFT:
+                    return notedWord(CARRIED_WHOLE);
+                case Walker.MADE:
+                    return closure(content, act, noted(LOOKED));
+                case Walker.AHEAD:
+                    int environment = environmentOf(act, content >>> Walker.OUT_SHIFT);
+                    int key = Settings.keyOf(environment, content & VARIABLE_MASK);
+                    long composed = walker.composedSetting(key, noted(SETS_BELOW));
+                    return composed == Walker.NOT_SET ? Settings.ahead(environment, content & VARIABLE_MASK) : composed;
+                default:
+                    return word;
+            }
+        }
+
+        /** Takes what is set in a body that was passed to what was set in those ahead of it, unless it is too much. */
+        private void compose() {
+            int act = history.actOf(noted(FRAME), History.END);
+            int count = isComposed() ? walker.countOfSettings() : 0;
+            for (int i = 0; i < count; i++) {
+                int variable = walker.variableAt(i);
+                int environment = environmentOf(act, variable >>> Walker.OUT_SHIFT);
+                walker.tell(i, Settings.keyOf(environment, variable & VARIABLE_MASK), wordOfAll(walker.wordOf(i), act));
+            }
+            noteWord(CARRIED_WHOLE, isComposed() ? wordOfAll(walker.value, act) : 0);
+            walker.compose(count, noted(SETS_BELOW));
+            if (walker.setCount - noted(SETS_BELOW) > MOST_COMPOSED) {
+                note(IS_LARGE, 1);
+            }
+        }
+
+        /** Notes what is told at the end of a body that was passed. */
+        private void endBody() {
             int act = history.actOf(noted(FRAME), History.END);
             int out = depthOf(history.environmentOf(act), noted(ENVIRONMENT));
             long set = out == NONE ? Walker.NOT_SET : walker.settingNow(noted(PLACE) | out << Walker.OUT_SHIFT);
@@ -5153,37 +5281,61 @@ public final class WindwardScheme {
                 noteWord(CARRIED, wordOfBody(walker.value));
                 note(CARRIED_BODY, noted(BODY));
             }
-            walker.cut(noted(LEVELS_BELOW), noted(PARTS_BELOW), noted(SETS_BELOW));
+        }
+
+        /** Goes on behind a body that was passed, to the one that went on with its value; whether it was the last one. */
+        private boolean isBehindAll() {
+            int frame = frameBehind(history.actOf(noted(FRAME), History.END));
+            note(BODY, noted(BODY) + 1);
+            note(FRAME, frame);
+            boolean isLast = frame == 0 || frame == history.waitedOf(noted(LOOKED)) || noted(BODY) >= noted(LIMIT);
+            note(STAGE, isLast ? AT_VARIABLE : AT_BEGIN);
+            return isLast;
+        }
+
+        /** Which body went on with the value of one; where a value came from elsewhere, that one is carried on. */
+        private int frameBehind(int act) {
             int frame = history.behind(act);
             for (int i = 0; i < MAX_STEPS && frame >= History.SPECIAL; i++) {
                 long word = history.word(frame - History.SPECIAL);
                 int sort = (int) word & FRAME_MASK;
-                if (sort == AFTER_FRAME) {
-                    noteWord(CARRIED, history.word(frame - History.SPECIAL + 1));
-                }
-                frame = (int) (word >>> FRAME_BITS) & LINK_MASK;
-                if (sort == JUMP_FRAME || sort == ENTER_FRAME) {
+                int goal = (int) (word >>> FRAME_BITS + LINK_BITS) & LINK_MASK;
+                boolean isJump = sort == JUMP_FRAME || sort == ENTER_FRAME;
+                if (sort == AFTER_FRAME || isJump) {
                     // A jump that was applied to nothing else has arrived.
-                    int goal = (int) (word >>> FRAME_BITS + LINK_BITS) & LINK_MASK;
-                    noteWord(CARRIED, history.word(goal + 1));
-                    frame = (int) history.word((int) history.word(goal)) & LINK_MASK;
+                    long given = history.word(isJump ? goal + 1 : frame - History.SPECIAL + 1);
+                    noteWord(CARRIED, given);
+                    noteWord(CARRIED_WHOLE, given);
+                }
+                frame = isJump ? (int) history.word((int) history.word(goal)) & LINK_MASK : (int) (word >>> FRAME_BITS) & LINK_MASK;
+            }
+            return frame;
+        }
+
+        /** Goes on behind all bodies that were passed. */
+        private long endBodies() {
+            int interval = noted(LOOKED);
+            long hit = notedWord(HIT);
+            int body = noted(HIT_BODY);
+            if (isComposed()) {
+                hit = walker.composedSetting(Settings.keyOf(noted(ENVIRONMENT), noted(PLACE)), noted(SETS_BELOW));
+                body = hit == Walker.NOT_SET ? NONE : 0;
+                if (noted(LIMIT) == ALL && (interval != history.now || !history.isOpen)) {
+                    walker.keepSets(History.PASSED, OF_INTERVAL | interval, noted(SETS_BELOW));
                 }
             }
-            note(BODY, noted(BODY) + 1);
-            note(FRAME, frame);
-            boolean isLast = frame == 0 || frame == history.waitedOf(interval) || noted(BODY) >= noted(LIMIT);
-            note(STAGE, isLast ? AT_VARIABLE : AT_BEGIN);
-            if (!isLast) {
-                return 0;
+            if (noted(TESTS) < 0 && noted(LIMIT) == ALL && (interval != history.now || !history.isOpen)) {
+                walker.keepTests((long) interval << 2 | History.PASSED, bits, noted(BITS), noted(SEEN));
             }
-            if (noted(HIT_BODY) == NONE) {
+            bitsUsed = noted(BITS);
+            walker.cut(noted(LEVELS_BELOW), noted(PARTS_BELOW), noted(SETS_BELOW));
+            if (body == NONE) {
                 takeSetting(Walker.NOT_SET);
                 return 0;
             }
             noteSet();
-            long hit = notedWord(HIT);
             if (!Settings.isValue(hit)) {
-                lookFor(Settings.environmentAhead(hit), Settings.placeAhead(hit), FROM_PASSED, noted(HIT_BODY));
+                lookFor(Settings.environmentAhead(hit), Settings.placeAhead(hit), FROM_PASSED, body);
             }
             return Settings.isValue(hit) ? hit : 0;
         }
@@ -5443,7 +5595,7 @@ public final class WindwardScheme {
         private boolean canBeUnknown() {
             int node = levelAt(level, NODE);
             boolean isSetLocal = (node & TAG_MASK) == OTHER && store.word(program, node >>> SLOT_SHIFT) == SET_LOCAL;
-            return level >= 0 && ((node & TAG_MASK) == CALL || isSetLocal);
+            return level >= 0 && ((node & TAG_MASK) == CALL || isSetLocal && !settings.isMerging);
         }
 
         private void evaluateOther(int node) {
@@ -6048,7 +6200,7 @@ public final class WindwardScheme {
             if (!isFromCode || count <= 0 || count > MOST_ARGUMENTS) {
                 return true;
             }
-            if (count <= FEW_ARGUMENTS && history.isRoomy()) {
+            if (heldCount == 0 && count <= FEW_ARGUMENTS && history.isRoomy()) {
                 boolean areKnown = true;
                 for (int i = 0; i < count; i++) {
                     putWord(held, i, body.plainAt(body.start + 1 + i));
