@@ -99,8 +99,9 @@ public final class WindwardScheme {
     private static final int BLOCK_BITS = 9;
     private static final int BLOCK_WORDS = 512;
     private static final int BLOCK_MASK = BLOCK_WORDS - 1;
-    private static final int MOST_BLOCKS = 12000;
+    private static final int MOST_BLOCKS = 12600;
     private static final int MOST_OF_HISTORY = 8800; // the others are enough for the largest expansion
+    private static final int BLOCKS_OF_CACHE = 512; // of what is remembered; more of them count as those of the history
     private static final int BLOCKS_OF_FORM = 200; // that a form and its expansion take at most
 
     // How many bits name an interval, a place in an image, a place in the log or what waits, and a program.
@@ -630,6 +631,12 @@ public final class WindwardScheme {
             }
         }
 
+        /** The block in which a word is; null if there is none. */
+        long[] blockAt(int index) {
+            int place = index >> BLOCK_BITS;
+            return place < 0 || place >= blocks.length ? null : blocks[place];
+        }
+
         int words() {
             return count << BLOCK_BITS;
         }
@@ -655,13 +662,14 @@ public final class WindwardScheme {
             return count << BLOCK_BITS >= words;
         }
 
-        /** Gives all blocks back. */
-        void release() {
-            for (int i = 0; i < count && i < blocks.length && room != null; i++) {
+        /** Gives the blocks back that are not needed for so many words. */
+        void cut(int words) {
+            int left = Math.min(count, words + BLOCK_MASK >> BLOCK_BITS);
+            for (int i = left; i < count && i < blocks.length && room != null; i++) {
                 room.add(blocks[i]);
                 blocks[i] = null;
             }
-            count = 0;
+            count = left;
         }
 
         private void add(long[] block) {
@@ -995,7 +1003,7 @@ public final class WindwardScheme {
 
         private void dropImage(int program) {
             if (program >= 0 && program < images.length && images[program] != null) {
-                images[program].release();
+                images[program].cut(0);
                 put(ends, program, 0);
             }
         }
@@ -1671,11 +1679,11 @@ public final class WindwardScheme {
             bound = 0;
             rowCount = 0;
             built = 0;
-            scratch.release();
-            scopes.release();
-            bindings.release();
-            rows.release();
-            parts.release();
+            scratch.cut(0);
+            scopes.cut(0);
+            bindings.cut(0);
+            rows.cut(0);
+            parts.cut(0);
         }
 
         // ---- terms
@@ -2274,8 +2282,8 @@ public final class WindwardScheme {
             }
             store.closeImage(isRight, isRight ? rootOf((int) slots.get(0)) : 0);
             macros.giveUp();
-            slots.release();
-            anew.release();
+            slots.cut(0);
+            anew.cut(0);
             return isRight;
         }
 
@@ -2703,9 +2711,10 @@ public final class WindwardScheme {
             return end + (now + 2) * (WORDS + 1) + needed < MOST_OF_HISTORY * BLOCK_WORDS;
         }
 
-        /** Whether there may be another interval besides those of the applications. */
-        boolean hasSpareInterval() {
-            return now + left + SPARE_INTERVALS < MOST_INTERVALS && isRoomy();
+        /** Whether there may be so many intervals besides those of the applications. */
+        boolean hasSpareIntervals(int count) {
+            int words = end + (now + 2 + count) * (WORDS + 1) + left * WORDS_OF_APPLICATION;
+            return now + left + SPARE_INTERVALS + count <= MOST_INTERVALS && words < MOST_OF_HISTORY * BLOCK_WORDS;
         }
 
         // ---- the log
@@ -3183,11 +3192,19 @@ public final class WindwardScheme {
         private static final int WORDS_OF_GROUP = 3840;
         private static final int OWN_BITS = 44; // of the mask of an interval, besides the first one
         private static final int KEY_BITS = 12;
+        // Of what is remembered: words, two for each variable; how many there are without need, how many if there is need.
         private static final int LEAST_CACHE = 256;
-        private static final int MOST_CACHE = 1 << 18; // words; entries have two of them
-        private static final int WAYS = 4; // entries of a row
-        private static final int OTHER_SHIFT = 16;
-        private static final long LASTING = 1L << 40;
+        private static final int MOST_CACHE = 1 << 18;
+        private static final int MOST_LASTING = 1 << 22;
+        private static final int ROW_WORDS = 8;
+        private static final int ROW_SHIFT = 3;
+        private static final int SIDE_SHIFT = 2;
+        private static final int HASH_SHIFT = 5;
+        // The head of one: the variable, a stamp, whether it lasts; so what may be forgotten first has the least head.
+        private static final int STAMP_SHIFT = 32;
+        private static final int STAMP_STEP = 32;
+        private static final long LASTING = 1L << 52;
+        private static final int FEW_INTERVALS = 1 << 15; // with no more of them, more is remembered
         static final int MOST_RECENT = 2048;
         private static final int RECENT_SHIFT = 20;
         private static final int LEAST_ELAPSED = 64;
@@ -3210,9 +3227,11 @@ public final class WindwardScheme {
         private boolean areAllRecent;
         private final Area anchors;
         private int anchorCount;
-        // What variables are now, as far as it is remembered.
-        private long[] cache;
+        // What variables are now, as far as it is remembered: in rows, variable and when it was wanted at last; value.
+        private final Area cache;
+        private int cacheWords;
         private int cached;
+        private int lasting; // those of them that could not be found soon
         boolean isMerging; // settings are no longer found soon, if a body ends behind them
         private final Area masks;
 
@@ -3228,7 +3247,9 @@ public final class WindwardScheme {
             recent = new int[MOST_RECENT];
             areAllRecent = true;
             anchors = new Area(room, MOST_BLOCKS);
-            cache = new long[LEAST_CACHE];
+            cache = new Area(room, MOST_BLOCKS);
+            cacheWords = LEAST_CACHE;
+            cache.reach(cacheWords);
             masks = new Area(room, MOST_BLOCKS);
         }
 
@@ -3293,8 +3314,6 @@ public final class WindwardScheme {
             entries.put(2 * setting + 1, content);
             if (environment == 0) {
                 put(globals, place, history.now);
-            } else {
-                remember(environment, place, isValue(content) ? content : 0);
             }
         }
 
@@ -3312,9 +3331,6 @@ public final class WindwardScheme {
 
         void setContent(int setting, long value) {
             entries.put(2 * setting + 1, value);
-            if (environmentOf(setting) != 0) {
-                remember(environmentOf(setting), placeOf(setting), value);
-            }
         }
 
         /** Goes on behind a body; if much is known of the interval at hand, it is forgotten. */
@@ -3363,11 +3379,11 @@ public final class WindwardScheme {
             boolean isLarge = count > FORGET;
             forgetAll();
             if (isLarge) {
-                entries.release();
+                entries.cut(0);
             }
             base = -1;
-            isMerging = !history.hasSpareInterval();
-            if (cached > cache.length >> 2 && cache.length < MOST_CACHE) {
+            isMerging = !history.hasSpareIntervals(1);
+            if (cached > cacheWords >> 2 && cacheWords < MOST_CACHE) {
                 growCache();
             }
         }
@@ -3526,64 +3542,180 @@ public final class WindwardScheme {
 
         // ---- what is remembered
 
-        private int rowOf(int hash) {
-            return (hash & (cache.length >> 3) - 1) << 3;
+        /** Where the row of a variable begins. Variables that are side by side have one row. */
+        private int rowOf(int key) {
+            int hash = (key >>> SIDE_SHIFT) * 0x9E3779B1;
+            hash = (hash ^ hash >>> 15) * 0x2C1B3C6D;
+            return (hash >>> HASH_SHIFT & (cacheWords >> ROW_SHIFT) - 1) << ROW_SHIFT;
+        }
+
+        /** Where the other row begins in which a variable can be. */
+        private int otherRowOf(int key) {
+            int hash = key * 0x85EBCA6B;
+            hash = (hash ^ hash >>> 13) * 0x7FEB352D;
+            return (hash >>> HASH_SHIFT & (cacheWords >> ROW_SHIFT) - 1) << ROW_SHIFT;
         }
 
         /** What a variable is now; 0 if that is not remembered. */
         long known(int environment, int place) {
-            int hash = hashOf(environment, place);
             int key = keyOf(environment, place);
-            int row = rowOf(hash);
-            for (int i = 0; i < 2 * WAYS; i++) {
-                if ((int) wordAt(cache, row) == key) {
-                    return wordAt(cache, row + 1);
-                }
-                row = i == WAYS - 1 ? rowOf(hash >>> OTHER_SHIFT) : row + 2;
+            int way = wayOf(rowOf(key), key);
+            way = way < 0 ? wayOf(otherRowOf(key), key) : way;
+            if (way < 0) {
+                return 0;
             }
-            return 0;
+            long head = cache.get(way);
+            if (((int) (head >>> STAMP_SHIFT) & INTERVAL_MASK) + STAMP_STEP < history.now) {
+                cache.put(way, head & ~((long) INTERVAL_MASK << STAMP_SHIFT) | (long) history.now << STAMP_SHIFT);
+            }
+            return cache.get(way + 1);
         }
 
-        /**
-         * Lets it be remembered what a variable is now; 0 lets it be forgotten. There are two rows in which it can be. What
-         * could not be found soon takes no other one's place that could not be found soon either, if there is another.
-         */
-        void remember(int environment, int place, long value) {
-            int hash = hashOf(environment, place);
-            long key = keyOf(environment, place);
-            int row = rowOf(hash);
-            int loose = -1;
-            int last = row + 2 * WAYS - 2;
-            for (int i = 0; i < 2 * WAYS; i++) {
-                long found = wordAt(cache, row);
-                if ((int) found == key) {
-                    putWord(cache, row, isMerging && value != 0 ? key | LASTING : found);
-                    putWord(cache, row + 1, value);
-                    return;
+        /** Where a variable is in a row; -1 if it is not there. */
+        private int wayOf(int row, int key) {
+            long[] block = cache.blockAt(row);
+            int first = row & BLOCK_MASK;
+            for (int i = first; block != null && i < block.length && i < first + ROW_WORDS; i += 2) {
+                if ((int) block[i] == key) {
+                    return row + i - first;
                 }
-                boolean isBetter = loose < 0 || wordAt(cache, loose) != 0 && found == 0;
-                loose = isBetter && (found & LASTING) == 0 ? row : loose;
-                row = i == WAYS - 1 ? rowOf(hash >>> OTHER_SHIFT) : row + 2;
             }
-            if (value != 0) {
-                row = loose < 0 ? last : loose;
-                cached++;
-                putWord(cache, row, isMerging ? key | LASTING : key);
-                putWord(cache, row + 1, value);
+            return -1;
+        }
+
+        /** Where a variable is in a row; if it is not there, ~ of where what is there may be forgotten first. */
+        private int wayFor(int row, int key) {
+            long[] block = cache.blockAt(row);
+            int first = row & BLOCK_MASK;
+            long least = Long.MAX_VALUE;
+            int loose = first;
+            for (int i = first; block != null && i < block.length && i < first + ROW_WORDS; i += 2) {
+                long head = block[i];
+                if ((int) head == key) {
+                    return row + i - first;
+                }
+                loose = head < least ? i : loose;
+                least = Math.min(least, head);
+            }
+            return ~(row + loose - first);
+        }
+
+        /** Lets it be remembered what a variable of the newest environment is, unless others are to last there. */
+        void rememberNew(int environment, int place, long value) {
+            int key = keyOf(environment, place);
+            int way = wayFor(rowOf(key), key);
+            way = way < 0 ? ~way : way;
+            if (cache.get(way) != 0 && cached < (cacheWords >> 2) + (cacheWords >> 3)) {
+                int second = ~wayFor(otherRowOf(key), key);
+                way = second >= 0 && cache.get(second) < cache.get(way) ? second : way;
+            }
+            long before = cache.get(way);
+            if ((before & LASTING) == 0) {
+                cached += before == 0 ? 1 : 0;
+                cache.put(way, key | (long) history.now << STAMP_SHIFT);
+                cache.put(way + 1, value);
             }
         }
 
-        /** Lets more be remembered, if there is much. */
-        private void growCache() {
-            long[] before = cache;
-            cache = new long[4 * before.length];
-            cached = 0;
-            for (int i = 0; i + 1 < before.length; i += 2) {
-                int key = (int) wordAt(before, i);
-                if (key != 0) {
-                    remember(key >>> KEY_BITS, key & (1 << KEY_BITS) - 1, wordAt(before, i + 1));
+        /** Lets it be remembered what a variable is now, longer if it could not be found soon; 0 lets it be forgotten. */
+        void remember(int environment, int place, long value, boolean isLasting) {
+            int key = keyOf(environment, place);
+            int way = wayFor(rowOf(key), key);
+            if (way < 0) {
+                int second = wayFor(otherRowOf(key), key);
+                way = second >= 0 || cache.get(~second) < cache.get(~way) ? second : way;
+            }
+            if (way < 0 && value == 0) {
+                return;
+            }
+            boolean isNew = way < 0;
+            way = isNew ? ~way : way;
+            if (isNew && (cache.get(way) & LASTING) != 0) {
+                way = freeWay(rowOf(key), otherRowOf(key), way);
+            }
+            long before = cache.get(way);
+            boolean isToLast = value != 0 && (isLasting || !isNew && (before & LASTING) != 0);
+            cached += before == 0 ? 1 : 0;
+            lasting += (isToLast ? 1 : 0) - ((before & LASTING) != 0 ? 1 : 0);
+            cache.put(way, key | (isToLast ? LASTING : 0) | (long) history.now << STAMP_SHIFT);
+            cache.put(way + 1, value);
+        }
+
+        /** Lets a place in one of two rows be free by putting what is there into its other row; another place if there is none. */
+        private int freeWay(int row, int other, int another) {
+            for (int i = 0; i < 2 * ROW_WORDS; i += 2) {
+                int way = i < ROW_WORDS ? row + i : other + i - ROW_WORDS;
+                long head = cache.get(way);
+                int home = rowOf((int) head);
+                int to = home == way >> ROW_SHIFT << ROW_SHIFT ? otherRowOf((int) head) : home;
+                for (int free = to; free < to + ROW_WORDS; free += 2) {
+                    if ((cache.get(free) & LASTING) == 0) {
+                        cached -= cache.get(free) == 0 ? 0 : 1;
+                        cache.put(free, head);
+                        cache.put(free + 1, cache.get(way + 1));
+                        cache.put(way, 0);
+                        return way;
+                    }
                 }
             }
+            return another;
+        }
+
+        /** Puts what is at a place to another one, where nothing is left then. */
+        private void move(int from, int to) {
+            cached -= cache.get(to) == 0 ? 0 : 1;
+            cache.put(to, cache.get(from));
+            cache.put(to + 1, cache.get(from + 1));
+            cache.put(from, 0);
+            cache.put(from + 1, 0);
+        }
+
+        /** Lets twice as much be remembered, if there is room: what is in a row stays, or goes to the one that is new for it. */
+        void growCache() {
+            int before = cacheWords;
+            if (!cache.reach(2 * before)) {
+                return;
+            }
+            for (int way = 0; way < before; way += 2) {
+                int key = (int) cache.get(way);
+                cacheWords = before;
+                boolean isAtHome = rowOf(key) == way >> ROW_SHIFT << ROW_SHIFT;
+                cacheWords = 2 * before;
+                int row = isAtHome ? rowOf(key) : otherRowOf(key);
+                if (key != 0 && row >= before) {
+                    move(way, way + before);
+                }
+            }
+            cacheWords = 2 * before;
+        }
+
+        /** Lets half as much be remembered. */
+        void shrinkCache() {
+            int half = cacheWords >> 1;
+            for (int way = half; way < 2 * half; way += 2) {
+                long head = cache.get(way);
+                int free = ~wayFor(way - half >> ROW_SHIFT << ROW_SHIFT, -1);
+                if (head > cache.get(free)) {
+                    lasting -= (cache.get(free) & LASTING) != 0 ? 1 : 0;
+                    move(way, free);
+                } else if (head != 0) {
+                    cached--;
+                    lasting -= (head & LASTING) != 0 ? 1 : 0;
+                }
+            }
+            cacheWords = half;
+            cache.cut(half);
+        }
+
+        /** How many blocks more there must be, so that nothing is forgotten that could not be found soon. */
+        int blocksForCache() {
+            boolean isFull = cacheWords >= MOST_CACHE && lasting > (cacheWords >> 2) + (cacheWords >> 4);
+            boolean isDue = isFull && cacheWords < MOST_LASTING && !history.hasSpareIntervals(FEW_INTERVALS);
+            return isDue ? cacheWords + BLOCK_MASK >> BLOCK_BITS : 0;
+        }
+
+        boolean isCacheLarge() {
+            return cacheWords > MOST_CACHE;
         }
 
         // ---- masks
@@ -3598,7 +3730,7 @@ public final class WindwardScheme {
         }
 
         int blocks() {
-            return masks.countOfBlocks() + anchors.countOfBlocks();
+            return masks.countOfBlocks() + anchors.countOfBlocks() + Math.max(0, cache.countOfBlocks() - BLOCKS_OF_CACHE);
         }
 
         /** Where the mask of the block around an interval begins, at a level from 1 to 4. */
@@ -3695,10 +3827,11 @@ public final class WindwardScheme {
         static final int OUT_SHIFT = 12; // of a variable
         static final int GLOBAL_OUT = 127;
         static final long NOT_SET = 7 << VALUE_BITS;
-        // What is kept of walks: settings, parts of calls; tests.
+        // What is kept of walks: settings, parts of calls; tests; of bodies that were passed their settings and values.
         static final int SETS = 0;
         static final int PARTS = 1;
         static final int TESTS = 2;
+        static final int BODIES = 3;
         private static final int HEADS = 1024;
         private static final int HEADS_SHIFT = 22;
         private static final int NEXT_SHIFT = 32;
@@ -3712,6 +3845,13 @@ public final class WindwardScheme {
         private static final long IS_THERE = 1L << 40;
         private static final int PLACES = 2;
         private static final int WRITTEN = 4;
+        private static final int TESTS_OF_BODIES = 5;
+        private static final int LOOKS = 6;
+        private static final int RINGS = 7;
+        private static final int LOOKS_SHIFT = 20;
+        private static final int MOST_LOOKS = 16;
+        private static final int TOO_LARGE = 1 << 20; // in place of how often was looked
+        private static final int TESTS_OF_BODY = 40;
         private static final int MOST_LEVELS = 1 << 14; // words
 
         private final Store store;
@@ -3731,12 +3871,14 @@ public final class WindwardScheme {
         private int program;
         private int limit; // the place ahead of which it ends; 0 if there is none
         private int tests; // that are at hand
-        private int seen; // of them
+        int seen; // of them
         private int form;
         private int formPlace;
         private boolean isTaking;
         long value;
-        // Rings of what is kept of settings and parts, and of tests; where entries are in them; how many words were written.
+        // Rings of what is kept of settings and parts, and of tests; where entries are in them; how many words were written;
+        // for places where bodies went on, how many tests there were in one; how often was looked into the bodies that were
+        // passed in an interval.
         private final long[][] rings;
 
         Walker(Area room, Store store, History history) {
@@ -3746,9 +3888,11 @@ public final class WindwardScheme {
             parts = new Area(room, MOST_BLOCKS);
             sets = new Area(room, MOST_BLOCKS);
             heads = new int[HEADS];
-            rings = new long[WRITTEN + 1][LEAST_RING];
+            rings = new long[RINGS][LEAST_RING];
             rings[PLACES] = new long[INDEX];
             rings[PLACES + 1] = new long[INDEX];
+            rings[TESTS_OF_BODIES] = new long[INDEX];
+            rings[LOOKS] = new long[INDEX];
         }
 
         // ---- walks
@@ -3804,8 +3948,8 @@ public final class WindwardScheme {
 
         void release() {
             cut(0, 0, 0);
-            parts.release();
-            sets.release();
+            parts.cut(0);
+            sets.cut(0);
         }
 
         /** Lets the forms wait that are around a place. */
@@ -4112,14 +4256,14 @@ public final class WindwardScheme {
             return place;
         }
 
-        /** Keeps what variables are set to, from one setting on. */
-        void keepSets(long start, long tests, int first) {
+        /** Keeps what variables are set to, from one setting on; where, or -1 if it is too much. */
+        long keepTable(int sort, long start, long tests, int first) {
             int count = setCount - first;
             int size = count == 0 ? 0 : 1;
             for (int i = 0; i < 30 && size < count + count / 4; i++) {
                 size *= 2;
             }
-            long place = keep(SETS, start, tests, 2 * size);
+            long place = keep(sort, start, tests, sort == BODIES ? 2 * size + 1 : 2 * size);
             for (int i = 0; i < 2 * size && place >= 0; i++) {
                 putRing(0, place + HEAD_WORDS + i, 0);
             }
@@ -4132,6 +4276,60 @@ public final class WindwardScheme {
                 putRing(0, place + HEAD_WORDS + 2 * row, key & KEY_MASK | IS_THERE);
                 putRing(0, place + HEAD_WORDS + 2 * row + 1, sets.get(2 * i + 1));
             }
+            if (sort == BODIES && place >= 0) {
+                putRing(0, place + HEAD_WORDS + 2 * size, value);
+            }
+            return place;
+        }
+
+        // ---- bodies that were passed
+
+        /** Where it is kept what a body comes to that goes on at a place, by the tests that are next; -1 if that is unknown. */
+        long keptBody(long start) {
+            int count = (int) wordAt(rings[TESTS_OF_BODIES], rowOf(BODIES, start, 0));
+            return seen + count > tests ? -1 : kept(BODIES, start, testsFrom(seen, count));
+        }
+
+        /** Goes on behind a body that is kept. */
+        void passTests(long kept) {
+            seen += 63 - Long.numberOfLeadingZeros(ringWord(0, kept + 1));
+        }
+
+        long valueOfKept(long kept) {
+            return ringWord(0, kept + HEAD_WORDS + ringWord(0, kept + 2) - 1);
+        }
+
+        /** By what tests it is to be kept what a body comes to that was walked through, from one test on; 0 if there are many. */
+        long testsOfBody(long start, int firstSeen) {
+            int count = seen - firstSeen;
+            boolean areFew = count >= 0 && count <= TESTS_OF_BODY && seen <= tests;
+            if (areFew) {
+                putWord(rings[TESTS_OF_BODIES], rowOf(BODIES, start, 0), count);
+            }
+            return areFew ? testsFrom(firstSeen, count) : 0;
+        }
+
+        /** Some tests in a word, below a 1. */
+        private long testsFrom(int first, int count) {
+            long word = 1L << count;
+            for (int i = 0; i < count; i++) {
+                word |= history.isLoadedTest(first + i) ? 1L << i : 0;
+            }
+            return word;
+        }
+
+        /** Counts a look into the bodies passed in an interval; whether all that is set in them is to be kept now. */
+        boolean isLookedOften(int interval) {
+            int row = interval & INDEX - 1;
+            long word = wordAt(rings[LOOKS], row);
+            int looks = (int) (word >>> LOOKS_SHIFT);
+            looks = (word & INTERVAL_MASK) != interval ? 1 : looks >= TOO_LARGE ? looks : looks >= MOST_LOOKS ? 0 : looks + 1;
+            putWord(rings[LOOKS], row, interval | (long) looks << LOOKS_SHIFT);
+            return looks == 0;
+        }
+
+        void noteTooLarge(int interval) {
+            putWord(rings[LOOKS], interval & INDEX - 1, interval | (long) TOO_LARGE << LOOKS_SHIFT);
         }
 
         /** What a variable is set to, by what is kept. */
@@ -4290,7 +4488,11 @@ public final class WindwardScheme {
         private static final int IS_SET = 35; // what a walk told is what the variable is set to
         private static final int IS_LARGE = 36; // not all is known that was set in the bodies passed
         private static final int SETS_OF_BODY = 37; // where those of the body at hand begin
-        private static final int TASK = 38;
+        private static final int TESTS_AHEAD = 38; // of the body at hand
+        private static final int IS_BEGUN = 39; // the first walk of a segment
+        private static final int HIT_ACT = 40; // the activations in which the words of HIT and CARRIED are told
+        private static final int CARRIED_ACT = 41;
+        private static final int TASK = 42;
         private static final int HIT = 0;
         private static final int CARRIED = 1;
         private static final int TOLD = 2; // by a walk
@@ -4306,6 +4508,8 @@ public final class WindwardScheme {
         private static final int AT_REST = 6;
         private static final int AT_WITHIN = 7;
         private static final int AT_TOLD = 8;
+        private static final int AT_BODIES = 9;
+        private static final int AT_ALL = 10;
         // What is next in an interval: its END, what was passed, its START, an interval before.
         private static final int FROM_END = 0;
         private static final int FROM_PASSED = 1;
@@ -4411,7 +4615,7 @@ public final class WindwardScheme {
             dropTasks();
             if (walker.blocks() > 0) {
                 walker.release();
-                bits.release();
+                bits.cut(0);
             }
         }
 
@@ -4428,14 +4632,11 @@ public final class WindwardScheme {
             if (asked != 0) {
                 beginAsked();
             }
-            if (depth == 0 && pendingUsed >= ROOTS) {
-                beginPending();
-            }
-            for (long i = 0; i < MAX_TURNS && depth > 0 && wanted == 0; i++) {
-                long found = 0;
-                if (forgotten > known.length && known.length < MOST_KNOWN) {
-                    growKnown();
+            for (long i = 0; i < MAX_TURNS && (depth > 0 || pendingUsed >= ROOTS) && wanted == 0; i++) {
+                if (depth == 0) {
+                    beginPending();
                 }
+                long found = 0;
                 switch (noted(STAGE)) {
                     case AT_WITHIN:
                         beginWithin();
@@ -4455,6 +4656,12 @@ public final class WindwardScheme {
                     case AT_BEGIN:
                         beginWalk();
                         break;
+                    case AT_BODIES:
+                        passBodies();
+                        break;
+                    case AT_ALL:
+                        found = endBodies();
+                        break;
                     case AT_TEST:
                         goOnWithWalk();
                         break;
@@ -4465,18 +4672,15 @@ public final class WindwardScheme {
                         if (walker.work() == Walker.TESTED) {
                             lookAtTest();
                         } else if (noted(SEGMENT) == History.PASSED) {
-                            endBody();
+                            endWalkOfBody();
                             compose();
-                            found = isBehindAll() ? endBodies() : 0;
+                            goBehind();
                         } else {
                             endWalk();
                         }
                 }
                 if (found != 0) {
                     endTask(found);
-                }
-                if (depth == 0 && pendingUsed >= ROOTS) {
-                    beginPending();
                 }
             }
             giveRoom();
@@ -4590,6 +4794,9 @@ public final class WindwardScheme {
         }
 
         private void endTask(long found) {
+            if (forgotten > known.length && known.length < MOST_KNOWN) {
+                growKnown();
+            }
             int first = noted(FIRST_MARK);
             for (int i = first; i < marksUsed; i++) {
                 know(wordAt(marks, i), found);
@@ -4673,6 +4880,7 @@ public final class WindwardScheme {
                 return 0;
             }
             note(PURPOSE, Walker.PARTS);
+            note(IS_BEGUN, 0);
             note(STAGE, AT_BEGIN);
             return 0;
         }
@@ -5017,8 +5225,8 @@ public final class WindwardScheme {
             long tests = isPassed ? OF_INTERVAL | interval : testsOf(interval, segment);
             long kept = isPassed && noted(LIMIT) != ALL ? -1 : walker.kept(Walker.SETS, start, tests);
             if (kept < 0) {
+                note(IS_BEGUN, 0);
                 note(STAGE, AT_BEGIN);
-                note(FRAME, 0);
                 return 0;
             }
             int key = isPassed ? Settings.keyOf(noted(ENVIRONMENT), noted(PLACE)) | Walker.COMPOSED : noted(PLACE) | out << Walker.OUT_SHIFT;
@@ -5086,20 +5294,23 @@ public final class WindwardScheme {
             return tests == 0 ? OF_INTERVAL | interval : tests;
         }
 
-        /** Begins with a walk through the segment at hand, or the next body in it. */
+        /** Begins with a walk through the segment at hand, or the next body in it, if there is need of it. */
         private void beginWalk() {
             int interval = noted(LOOKED);
             int segment = noted(SEGMENT);
             boolean isPassed = segment == History.PASSED;
-            boolean isFirst = !isPassed || noted(FRAME) == 0;
-            if (isPassed && isFirst) {
-                note(FRAME, history.firstPassedOf(interval));
-                note(BODY, 0);
-                note(HIT_BODY, NONE);
-                note(CARRIED_BODY, 0);
-                note(IS_LARGE, 0);
-                noteWord(CARRIED, history.firstGiftOf(interval));
-                noteWord(CARRIED_WHOLE, history.firstGiftOf(interval));
+            if (noted(IS_BEGUN) == 0) {
+                note(IS_BEGUN, 1);
+                note(LEVELS_BELOW, walker.levelCount);
+                note(PARTS_BELOW, walker.partCount);
+                note(SETS_BELOW, walker.setCount);
+                note(BITS, bitsUsed);
+                note(SEEN, 0);
+                loadTests(interval, segment);
+                if (isPassed && !areBodiesComposed(interval)) {
+                    note(STAGE, AT_BODIES);
+                    return;
+                }
             }
             int waited = isPassed ? noted(FRAME) : segment == History.END ? history.waitedOf(interval) : 0;
             int act = isPassed ? history.actOf(waited, History.END) : history.actOf(interval, segment);
@@ -5107,20 +5318,54 @@ public final class WindwardScheme {
             if (!isLoaded(program)) {
                 return;
             }
-            if (isFirst) {
-                note(LEVELS_BELOW, walker.levelCount);
-                note(PARTS_BELOW, walker.partCount);
-                note(SETS_BELOW, walker.setCount);
-                note(BITS, bitsUsed);
-                note(SEEN, 0);
-                loadTests(interval, segment);
-            }
             store.makeRoom(store.blocksBeside(program), program);
             note(SETS_OF_BODY, walker.setCount);
+            note(TESTS_AHEAD, walker.seen);
             int place = waited == 0 ? 0 : history.placeOf(waited);
             int limit = isStopped(interval, segment) ? history.placeOf(interval) : 0;
             walker.beginAt(program, history.codeOf(act) & OFFSET_MASK, place, limit);
             note(STAGE, AT_WALK);
+        }
+
+        /** Begins with the first of the bodies that were passed. All that is set in them is told if it is wanted often. */
+        private boolean areBodiesComposed(int interval) {
+            note(FRAME, history.firstPassedOf(interval));
+            note(BODY, 0);
+            note(HIT_BODY, NONE);
+            note(CARRIED_BODY, 0);
+            noteWord(CARRIED, history.firstGiftOf(interval));
+            noteWord(CARRIED_WHOLE, history.firstGiftOf(interval));
+            boolean canBeKept = noted(LIMIT) == ALL && isClosed(interval);
+            boolean isAtOnce = noted(TESTS) < 0 || canBeKept && walker.isLookedOften(interval);
+            note(IS_LARGE, isAtOnce ? 0 : 1);
+            return isAtOnce;
+        }
+
+        private boolean isClosed(int interval) {
+            return interval != history.now || !history.isOpen;
+        }
+
+        /** Goes on through bodies that were passed, as long as it is kept what they come to. */
+        private void passBodies() {
+            int environment = noted(ENVIRONMENT);
+            int place = noted(PLACE);
+            for (int i = 0; i < MAX_STEPS && noted(STAGE) == AT_BODIES; i++) {
+                int act = history.actOf(noted(FRAME), History.END);
+                long kept = walker.keptBody(startOfBody(noted(FRAME), act));
+                if (kept < 0) {
+                    note(STAGE, AT_BEGIN);
+                } else {
+                    walker.passTests(kept);
+                    int out = depthOf(history.environmentOf(act), environment);
+                    long set = out == NONE ? Walker.NOT_SET : walker.keptSetting(kept, place | out << Walker.OUT_SHIFT);
+                    endBody(act, set, walker.valueOfKept(kept));
+                    goBehind();
+                }
+            }
+        }
+
+        private long startOfBody(int frame, int act) {
+            return history.codeOf(act) >>> OFFSET_BITS << OFFSET_BITS | history.placeOf(frame);
         }
 
         /** Lets the walker have the tests of a segment, as far as they are known. */
@@ -5140,7 +5385,8 @@ public final class WindwardScheme {
             long word = walker.value;
             int body = noted(BODY);
             if (word == Walker.GIFT) {
-                word = isPassed ? notedWord(isComposed() ? CARRIED_WHOLE : CARRIED) : history.giftOf(interval);
+                long carried = isComposed() ? notedWord(CARRIED_WHOLE) : wordOfBody(notedWord(CARRIED), noted(CARRIED_ACT));
+                word = isPassed ? carried : history.giftOf(interval);
                 body = isComposed() ? 0 : noted(CARRIED_BODY);
             } else if (((int) word & Walker.SORT_MASK) == Walker.AHEAD) {
                 int variable = (int) (word >>> Walker.CONTENT_SHIFT);
@@ -5209,7 +5455,7 @@ public final class WindwardScheme {
             } else {
                 int out = depthOf(history.environmentOf(history.actOf(interval, segment)), noted(ENVIRONMENT));
                 told = walker.settingNow(noted(PLACE) | out << Walker.OUT_SHIFT);
-                walker.keepSets(start, tests, noted(SETS_BELOW));
+                walker.keepTable(Walker.SETS, start, tests, noted(SETS_BELOW));
             }
             walker.cut(noted(LEVELS_BELOW), noted(PARTS_BELOW), noted(SETS_BELOW));
             if (isPart) {
@@ -5220,8 +5466,7 @@ public final class WindwardScheme {
         }
 
         /** A word of a body that was passed, without regard to where it is told. */
-        private long wordOfBody(long word) {
-            int act = history.actOf(noted(FRAME), History.END);
+        private long wordOfBody(long word, int act) {
             int content = (int) (word >>> Walker.CONTENT_SHIFT);
             if (((int) word & Walker.SORT_MASK) == Walker.AHEAD) {
                 return Settings.ahead(environmentOf(act, content >>> Walker.OUT_SHIFT), content & VARIABLE_MASK);
@@ -5268,29 +5513,43 @@ public final class WindwardScheme {
             }
         }
 
-        /** Notes what is told at the end of a body that was passed. */
-        private void endBody() {
-            int act = history.actOf(noted(FRAME), History.END);
+        /** Keeps and notes what a body came to that was walked through. */
+        private void endWalkOfBody() {
+            int frame = noted(FRAME);
+            int act = history.actOf(frame, History.END);
             int out = depthOf(history.environmentOf(act), noted(ENVIRONMENT));
             long set = out == NONE ? Walker.NOT_SET : walker.settingNow(noted(PLACE) | out << Walker.OUT_SHIFT);
+            if (!isComposed() && noted(TESTS) >= 0) {
+                long start = startOfBody(frame, act);
+                long tests = walker.testsOfBody(start, noted(TESTS_AHEAD));
+                if (tests != 0) {
+                    walker.keepTable(Walker.BODIES, start, tests, noted(SETS_OF_BODY));
+                }
+            }
+            endBody(act, set, walker.value);
+        }
+
+        /** Notes what the variable is set to in a body that was passed, and its value. */
+        private void endBody(int act, long set, long value) {
             if (set != Walker.NOT_SET) {
-                noteWord(HIT, set == Walker.GIFT ? notedWord(CARRIED) : wordOfBody(set));
+                noteWord(HIT, set == Walker.GIFT ? notedWord(CARRIED) : set);
+                note(HIT_ACT, set == Walker.GIFT ? noted(CARRIED_ACT) : act);
                 note(HIT_BODY, set == Walker.GIFT ? noted(CARRIED_BODY) : noted(BODY));
             }
-            if (walker.value != Walker.GIFT) {
-                noteWord(CARRIED, wordOfBody(walker.value));
+            if (value != Walker.GIFT) {
+                noteWord(CARRIED, value);
+                note(CARRIED_ACT, act);
                 note(CARRIED_BODY, noted(BODY));
             }
         }
 
-        /** Goes on behind a body that was passed, to the one that went on with its value; whether it was the last one. */
-        private boolean isBehindAll() {
+        /** Goes on behind a body that was passed. */
+        private void goBehind() {
             int frame = frameBehind(history.actOf(noted(FRAME), History.END));
             note(BODY, noted(BODY) + 1);
             note(FRAME, frame);
             boolean isLast = frame == 0 || frame == history.waitedOf(noted(LOOKED)) || noted(BODY) >= noted(LIMIT);
-            note(STAGE, isLast ? AT_VARIABLE : AT_BEGIN);
-            return isLast;
+            note(STAGE, isLast ? AT_ALL : isComposed() ? AT_BEGIN : AT_BODIES);
         }
 
         /** Which body went on with the value of one; where a value came from elsewhere, that one is carried on. */
@@ -5315,16 +5574,17 @@ public final class WindwardScheme {
         /** Goes on behind all bodies that were passed. */
         private long endBodies() {
             int interval = noted(LOOKED);
-            long hit = notedWord(HIT);
+            long hit = wordOfBody(notedWord(HIT), noted(HIT_ACT));
             int body = noted(HIT_BODY);
             if (isComposed()) {
                 hit = walker.composedSetting(Settings.keyOf(noted(ENVIRONMENT), noted(PLACE)), noted(SETS_BELOW));
                 body = hit == Walker.NOT_SET ? NONE : 0;
-                if (noted(LIMIT) == ALL && (interval != history.now || !history.isOpen)) {
-                    walker.keepSets(History.PASSED, OF_INTERVAL | interval, noted(SETS_BELOW));
+                if (noted(LIMIT) == ALL && isClosed(interval)
+                        && walker.keepTable(Walker.SETS, History.PASSED, OF_INTERVAL | interval, noted(SETS_BELOW)) < 0) {
+                    walker.noteTooLarge(interval);
                 }
             }
-            if (noted(TESTS) < 0 && noted(LIMIT) == ALL && (interval != history.now || !history.isOpen)) {
+            if (noted(TESTS) < 0 && noted(LIMIT) == ALL && isClosed(interval)) {
                 walker.keepTests((long) interval << 2 | History.PASSED, bits, noted(BITS), noted(SEEN));
             }
             bitsUsed = noted(BITS);
@@ -5572,7 +5832,7 @@ public final class WindwardScheme {
                 long variable = found == 0 ? Settings.ahead(around, place) : found;
                 long looked = finder.variableAhead(Settings.environmentAhead(variable), Settings.placeAhead(variable));
                 if (looked != 0) {
-                    settings.remember(around, place, looked);
+                    settings.remember(around, place, looked, settings.isMerging);
                     give(looked);
                 }
             }
@@ -5717,7 +5977,10 @@ public final class WindwardScheme {
                 return;
             }
             if (kindOfNode == SET_LOCAL) {
-                settings.set(environmentAt(target), target >> SLOT_SHIFT & VARIABLE_MASK, value);
+                int around = environmentAt(target);
+                int place = target >> SLOT_SHIFT & VARIABLE_MASK;
+                settings.set(around, place, value);
+                settings.remember(around, place, Settings.isValue(value) ? value : 0, true);
             } else {
                 store.define(target, VARIABLE, value);
                 settings.set(0, target, value);
@@ -5946,6 +6209,7 @@ public final class WindwardScheme {
         /** Goes on with the run; the number of a program that must be expanded for it first, or 0 at the end. */
         int goOn() {
             for (long i = 0; i < MAX_TURNS && status == 'r' && (body.mode != Body.APPLY || fuel > 0); i++) {
+                makeRoomForCache();
                 if (finder.isBusy()) {
                     finder.goOn();
                 }
@@ -5963,7 +6227,7 @@ public final class WindwardScheme {
                 } else if (body.mode == Body.TAKE && body.behind == 0) {
                     finish();
                 } else if (body.mode == Body.TAKE && body.behind < History.SPECIAL) {
-                    if (history.isOpen && history.isSegmentSet() && history.hasSpareInterval()) {
+                    if (history.isOpen && history.isSegmentSet() && history.hasSpareIntervals(1)) {
                         closeInterval(0);
                     }
                     body.resume(body.behind, body.value);
@@ -6008,13 +6272,27 @@ public final class WindwardScheme {
             if (blocks == 0) {
                 return interval < History.MOST_INTERVALS;
             }
-            boolean isFull = history.blocks() + settings.blocks() + blocks > MOST_OF_HISTORY;
-            if (isFull || !store.makeRoom(blocks, body.program)) {
+            for (int i = 0; i < LEVELS && isFullWith(blocks) && settings.isCacheLarge(); i++) {
+                settings.shrinkCache();
+            }
+            if (isFullWith(blocks) || !store.makeRoom(blocks, body.program)) {
                 return false;
             }
             history.take(WORDS_OF_STEP);
             settings.take(interval);
             return interval < History.MOST_INTERVALS;
+        }
+
+        private boolean isFullWith(int blocks) {
+            return history.blocks() + settings.blocks() + blocks > MOST_OF_HISTORY;
+        }
+
+        /** Lets more be remembered of what variables are, if it could not be found soon and there is room. */
+        private void makeRoomForCache() {
+            int blocks = settings.blocksForCache();
+            if (blocks > 0 && !isFullWith(blocks) && store.makeRoom(blocks, body.program)) {
+                settings.growCache();
+            }
         }
 
         private void giveUp() {
@@ -6254,8 +6532,9 @@ public final class WindwardScheme {
             found = finder.variableAhead(Settings.environmentAhead(content), Settings.placeAhead(content));
             if (found != 0 && setting >= 0) {
                 settings.setContent(setting, found);
-            } else if (found != 0) {
-                settings.remember(environment, place, found);
+            }
+            if (found != 0) {
+                settings.remember(environment, place, found, settings.isMerging);
             }
             return found;
         }
@@ -6336,11 +6615,11 @@ public final class WindwardScheme {
             for (int i = 0; i < parameters && list == 0; i++) {
                 long argument = heldCount > 0 ? wordAt(held, i) : body.plainAt(body.start + 1 + i);
                 if (argument != 0) {
-                    settings.remember(history.now, i, argument);
+                    settings.rememberNew(history.now, i, argument);
                 }
             }
             if (hasRest) {
-                settings.remember(history.now, parameters | REST, Finder.view(history.now, parameters, count));
+                settings.rememberNew(history.now, parameters | REST, Finder.view(history.now, parameters, count));
             }
         }
 

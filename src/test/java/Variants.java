@@ -21,7 +21,9 @@ public final class Variants {
     private static final String[] NEVER = and(LAZY, "return history.isRoomy() && (history.now", "return history.now < 0 && (history.now",
         "LEAST_ELAPSED + recentCount / 2 && history.isRoomy()", "LEAST_ELAPSED + recentCount / 2 && history.now < 0");
     private static final String[] ALWAYS = {"% (LEAST_PARTS + count / 2) == 0", "% (LEAST_PARTS + count / 2) >= 0"};
-    private static final String[] NO_CACHE = {" LEAST_CACHE = 256;", " LEAST_CACHE = 4;", "MOST_CACHE = 1 << 18;", "MOST_CACHE = 4;"};
+    private static final String[] NO_CACHE = {" LEAST_CACHE = 256;", " LEAST_CACHE = 4;", "MOST_CACHE = 1 << 18;", "MOST_CACHE = 4;",
+        "MOST_LASTING = 1 << 22;", "MOST_LASTING = 4;"};
+    private static final String[] LITTLE_CACHE = {" LEAST_CACHE = 256;", " LEAST_CACHE = 8;", "MOST_CACHE = 1 << 18;", "MOST_CACHE = 16;"};
     private static final String[] FORGETFUL = and(NO_CACHE, " LEAST_TABLE = 256;", " LEAST_TABLE = 4;", "MOST_KNOWN = 1 << 17;", "MOST_KNOWN = 4;",
         "MOST_PASSES = 1 << 14;", "MOST_PASSES = 4;", "LEAST_RING = 1 << 10;", "LEAST_RING = 1 << 7;", "MOST_RING = 1 << 17;", "MOST_RING = 1 << 7;");
     private static final String[] NO_TESTS = {"MOST_TESTS = 1 << 17;", "MOST_TESTS = 0;", "FEW_TESTS = 20;", "FEW_TESTS = 0;", "TESTS_OF_WORD = 48;", "TESTS_OF_WORD = 0;"};
@@ -40,6 +42,12 @@ public final class Variants {
         CHANGES.put("nothing is remembered", and(NEVER, FORGETFUL));
         CHANGES.put("no spare intervals", and(NEVER, NO_SPARE));
         CHANGES.put("no spare intervals, nothing is remembered", and(and(NEVER, NO_SPARE), FORGETFUL));
+        CHANGES.put("bodies one by one", and(and(and(NEVER, NO_SPARE), NO_CACHE), "MOST_LOOKS = 16;", "MOST_LOOKS = 1 << 19;"));
+        CHANGES.put("bodies one by one, tests in rows", and(and(and(and(NEVER, NO_SPARE), NO_CACHE), TESTS_IN_ROWS), "MOST_LOOKS = 16;", "MOST_LOOKS = 2;",
+                "TESTS_OF_BODY = 40;", "TESTS_OF_BODY = 2;"));
+        CHANGES.put("a cache that grows", and(and(NEVER, NO_SPARE), LITTLE_CACHE));
+        CHANGES.put("a cache that grows and shrinks", and(and(and(NEVER, NO_SPARE), LITTLE_CACHE), "isFullWith(blocks) && settings.isCacheLarge()",
+                "history.now % 3 == 0 && settings.isCacheLarge()", "if (blocks == 0) {", "if (blocks == 0 && history.now % 3 != 0) {"));
         CHANGES.put("held and forgotten", and(and(ALWAYS, OFTEN), FORGETFUL));
         CHANGES.put("tests in rows", and(and(NEVER, FORGETFUL), TESTS_IN_ROWS));
         CHANGES.put("tests in rows, no spare intervals", and(and(and(NEVER, NO_SPARE), NO_CACHE), TESTS_IN_ROWS));
