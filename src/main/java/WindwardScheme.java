@@ -2640,10 +2640,11 @@ public final class WindwardScheme {
         private static final int BASES = 64;
         private static final int BASE_SHIFT = 18;
         private static final int CHANGED_SHIFT = 42;
-        // Words of the room that are left for each application that may still come: of what there must be for it, of what
-        // there may be besides.
+        // Words of the room that are left for each application that may still come: what there must be for it, and so that
+        // there is room for tests, if there are to be held values, or intervals besides those of the applications.
         private static final int WORDS_OF_APPLICATION = 16;
-        private static final int MORE_OF_APPLICATION = 4;
+        private static final int WORDS_WITH_TESTS = 17;
+        private static final int WORDS_WITH_ALL = 18;
         private static final int SPARE_INTERVALS = 64;
 
         private final Area table;
@@ -2701,20 +2702,21 @@ public final class WindwardScheme {
             left = applications;
         }
 
-        /** Whether there is room for what need not be held. */
-        boolean isRoomy() {
-            return end + (now + 2) * (WORDS + 1) + left * WORDS_OF_APPLICATION < MOST_OF_HISTORY * BLOCK_WORDS;
+        /** Whether there is room for so many words, if that many are left for each application. */
+        private boolean hasRoomFor(int words, int wordsOfApplication) {
+            int needed = words + (now + 2) * (WORDS + 1) + left * wordsOfApplication;
+            return end + needed < MOST_OF_HISTORY * BLOCK_WORDS;
         }
 
-        private boolean isRoomyForTests() {
-            int needed = left * (WORDS_OF_APPLICATION + MORE_OF_APPLICATION);
-            return end + (now + 2) * (WORDS + 1) + needed < MOST_OF_HISTORY * BLOCK_WORDS;
+        /** Whether there is room for what need not be held. */
+        boolean isRoomy() {
+            return hasRoomFor(0, WORDS_WITH_TESTS);
         }
 
         /** Whether there may be so many intervals besides those of the applications. */
         boolean hasSpareIntervals(int count) {
-            int words = end + (now + 2 + count) * (WORDS + 1) + left * WORDS_OF_APPLICATION;
-            return now + left + SPARE_INTERVALS + count <= MOST_INTERVALS && words < MOST_OF_HISTORY * BLOCK_WORDS;
+            boolean areNumbered = now + left + SPARE_INTERVALS + count <= MOST_INTERVALS;
+            return areNumbered && hasRoomFor(count * (WORDS + 1), WORDS_WITH_ALL);
         }
 
         // ---- the log
@@ -2889,11 +2891,11 @@ public final class WindwardScheme {
             if (!isOfWord && count <= MOST_TESTS) {
                 int hash = hashOf(row, count);
                 content = rowOf(row, count, hash);
-                if (content == 0 && isRoomyForTests()) {
+                if (content == 0 && hasRoomFor(2 + (count >> 5), WORDS_OF_APPLICATION)) {
                     content = addRow(row, count, hash);
                 }
             }
-            boolean isKnown = content != 0 && isRoomyForTests();
+            boolean isKnown = content != 0 && (segment == PASSED || hasRoomFor(2, WORDS_OF_APPLICATION));
             if (isKnown || segment == PASSED) {
                 addExtra(testsOf(segment), isKnown ? count : NO_TESTS);
                 add(content);
