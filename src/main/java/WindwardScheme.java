@@ -99,8 +99,8 @@ public final class WindwardScheme {
     private static final int BLOCK_BITS = 9;
     private static final int BLOCK_WORDS = 512;
     private static final int BLOCK_MASK = BLOCK_WORDS - 1;
-    private static final int MOST_BLOCKS = 12600;
-    private static final int MOST_OF_HISTORY = 8800; // the others are enough for the largest expansion
+    private static final int MOST_BLOCKS = 11900;
+    private static final int MOST_OF_HISTORY = 8500; // the others are enough for the largest expansion
     private static final int BLOCKS_OF_CACHE = 512; // of what is remembered; more of them count as those of the history
     private static final int BLOCKS_OF_FORM = 200; // that a form and its expansion take at most
 
@@ -2646,6 +2646,7 @@ public final class WindwardScheme {
         private static final int WORDS_WITH_TESTS = 17;
         private static final int WORDS_WITH_ALL = 18;
         private static final int SPARE_INTERVALS = 64;
+        private static final int SPARE_WORDS = 28000; // more than a step may take, with blocks that are not full
 
         private final Area table;
         final Area log;
@@ -2704,7 +2705,7 @@ public final class WindwardScheme {
 
         /** Whether there is room for so many words, if that many are left for each application. */
         private boolean hasRoomFor(int words, int wordsOfApplication) {
-            int needed = words + (now + 2) * (WORDS + 1) + left * wordsOfApplication;
+            int needed = words + (now + 2) * (WORDS + 1) + left * wordsOfApplication + SPARE_WORDS;
             return end + needed < MOST_OF_HISTORY * BLOCK_WORDS;
         }
 
@@ -4526,7 +4527,7 @@ public final class WindwardScheme {
         private static final int MOST_MARKS = 2048;
         private static final int LEAST_TABLE = 256;
         private static final int MOST_KNOWN = 1 << 17;
-        private static final int MOST_PASSES = 1 << 14;
+        private static final int MOST_PASSES = 1 << 16;
         private static final int MOST_SCRATCH = 600; // blocks
         private static final int FEW_SCRATCH = 32;
         private static final int MOST_COMPOSED = 1 << 17;
@@ -5147,7 +5148,10 @@ public final class WindwardScheme {
             if (held != 0) {
                 return held;
             }
-            note(CEILING, noted(CEILING) == 0 ? looked : noted(CEILING));
+            if (noted(CEILING) == 0) {
+                note(CEILING, looked);
+                mark(keyOf(VARIABLE, environment, place, looked));
+            }
             int found = lastSetting(environment, place, settings.lastPossible(environment, place, looked));
             int anchor = found == 0 ? NONE : settings.anchorAt(found, looked);
             if (anchor != NONE) {
@@ -5607,7 +5611,7 @@ public final class WindwardScheme {
         /** Lets more be known, if much is forgotten. */
         private void growKnown() {
             long[] before = known;
-            known = new long[4 * before.length];
+            known = new long[2 * before.length];
             for (int i = before.length - 2; i >= 0; i -= 2) {
                 if (wordAt(before, i) != 0) {
                     know(wordAt(before, i), wordAt(before, i + 1));

@@ -25,7 +25,7 @@ public final class Variants {
         "MOST_LASTING = 1 << 22;", "MOST_LASTING = 4;"};
     private static final String[] LITTLE_CACHE = {" LEAST_CACHE = 256;", " LEAST_CACHE = 8;", "MOST_CACHE = 1 << 18;", "MOST_CACHE = 16;"};
     private static final String[] FORGETFUL = and(NO_CACHE, " LEAST_TABLE = 256;", " LEAST_TABLE = 4;", "MOST_KNOWN = 1 << 17;", "MOST_KNOWN = 4;",
-        "MOST_PASSES = 1 << 14;", "MOST_PASSES = 4;", "LEAST_RING = 1 << 10;", "LEAST_RING = 1 << 7;", "MOST_RING = 1 << 17;", "MOST_RING = 1 << 7;");
+        "MOST_PASSES = 1 << 16;", "MOST_PASSES = 4;", "LEAST_RING = 1 << 10;", "LEAST_RING = 1 << 7;", "MOST_RING = 1 << 17;", "MOST_RING = 1 << 7;");
     private static final String[] NO_TESTS = {"MOST_TESTS = 1 << 17;", "MOST_TESTS = 0;", "FEW_TESTS = 20;", "FEW_TESTS = 0;", "TESTS_OF_WORD = 48;", "TESTS_OF_WORD = 0;"};
     private static final String[] TESTS_IN_ROWS = {"FEW_TESTS = 20;", "FEW_TESTS = 0;", "TESTS_OF_WORD = 48;", "TESTS_OF_WORD = 1;"};
     private static final String[] NO_SPARE = {"SPARE_INTERVALS = 64;", "SPARE_INTERVALS = 1 << 20;"};
