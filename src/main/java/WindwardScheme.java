@@ -961,6 +961,10 @@ public final class WindwardScheme {
             return Math.min(at(ends, program), MOST_AT_HAND) / BLOCK_WORDS + FEW_AT_HAND;
         }
 
+        boolean hasRoom(int blocks) {
+            return room.spare() >= blocks;
+        }
+
         /** Lets so many blocks be free in the room; other images may be given up for them. */
         boolean makeRoom(int blocks, int kept) {
             for (int i = 0; i < MAX_PROGRAMS && room.spare() < blocks; i++) {
@@ -2616,10 +2620,13 @@ public final class WindwardScheme {
         static final int END_SET = 4;
         static final int STOPPED = 8; // the interval ended with an error ahead of what is at its place
         static final int DROPPING = 16; // the value that is waited for at its end is dropped
+        private static final int ARRIVED = 32; // of the interval at hand: a jump came behind what may be a body passed
         private static final int EXTRA_SHIFT = 19;
         private static final int TESTS_SHIFT = 43;
         private static final int FEW_TESTS = 20;
-        private static final int MASK_BITS = 45;
+        private static final int MASK_BITS = 44;
+        private static final long PASSED_BIT = 1L << MASK_BITS; // it was set ahead of the END of the interval, too
+        private static final int LAST_SHIFT = MASK_BITS + 1;
         // Extras: their type, the next one, a number; and words behind that.
         static final int LIST_EXTRA = 1; // arguments: how many, the list of them
         static final int ONE_EXTRA = 2; // the only argument
@@ -2634,6 +2641,7 @@ public final class WindwardScheme {
         private static final int TESTS_OF_WORD = 48;
         private static final int MOST_TESTS = 1 << 17;
         private static final int NO_TESTS = (1 << 18) - 1; // in place of their number: they are not known
+        private static final int JUMPED = 1 << 18; // with their number
         private static final long OF_ROW = 1L << 50; // in the key of tests: they are a row in the log
         private static final int ROWS = 4096;
         private static final int ROWS_SHIFT = 20;
@@ -2814,6 +2822,11 @@ public final class WindwardScheme {
             }
         }
 
+        /** Notes that a jump arrives, so that what waits may have begun behind a body that was passed. */
+        void noteArrival() {
+            flags |= isOpen && waited != 0 ? ARRIVED : 0;
+        }
+
         /** Ends the interval at hand, at a place. */
         void close(int place, int moreFlags) {
             flags |= moreFlags;
@@ -2831,7 +2844,13 @@ public final class WindwardScheme {
         void noteSetting(int environment) {
             flags |= END_SET;
             long word = table.get(environment * WORDS + 4);
-            table.put(environment * WORDS + 4, word & (1L << MASK_BITS) - 1 | (long) now << MASK_BITS);
+            long kept = word >>> LAST_SHIFT == now ? word : word & PASSED_BIT - 1;
+            table.put(environment * WORDS + 4, kept & (1L << LAST_SHIFT) - 1 | (long) now << LAST_SHIFT);
+        }
+
+        /** Notes that variables of an environment were set in a body that was passed in the interval at hand. */
+        void notePassed(int environment) {
+            table.put(environment * WORDS + 4, table.get(environment * WORDS + 4) | PASSED_BIT);
         }
 
         /** Whether variables were set in the segment at hand. */
@@ -2898,7 +2917,7 @@ public final class WindwardScheme {
             }
             boolean isKnown = content != 0 && (segment == PASSED || hasRoomFor(2, WORDS_OF_APPLICATION));
             if (isKnown || segment == PASSED) {
-                addExtra(testsOf(segment), isKnown ? count : NO_TESTS);
+                addExtra(testsOf(segment), (isKnown ? count : NO_TESTS) | (segment == PASSED && (flags & ARRIVED) != 0 ? JUMPED : 0));
                 add(content);
             }
             if (segment == PASSED) {
@@ -3023,7 +3042,7 @@ public final class WindwardScheme {
             }
             long noted = segment == END ? table.get(interval * WORDS + 2) >>> TESTS_SHIFT : 0;
             int extra = noted != 0 ? 0 : extraOf(interval, testsOf(segment));
-            int count = extra == 0 ? NO_TESTS : infoOf(extra);
+            int count = extra == 0 ? NO_TESTS : infoOf(extra) & NO_TESTS;
             if (noted != 0) {
                 count = 63 - Long.numberOfLeadingZeros(noted);
             }
@@ -3143,6 +3162,12 @@ public final class WindwardScheme {
             return isAtHand ? firstPassed : (int) log.get(extraOf(interval, PASSED_EXTRA) + 2);
         }
 
+        /** Whether each of the bodies passed in an interval began ahead of the one passed before. */
+        boolean arePassedInOrder(int interval) {
+            boolean isAtHand = interval == now && isOpen;
+            return isAtHand ? (flags & ARRIVED) == 0 : (infoOf(extraOf(interval, PASSED_EXTRA)) & JUMPED) == 0;
+        }
+
         long firstGiftOf(int interval) {
             boolean isAtHand = interval == now && isOpen;
             return isAtHand ? firstGift : log.get(extraOf(interval, PASSED_EXTRA) + 3);
@@ -3165,7 +3190,13 @@ public final class WindwardScheme {
 
         /** In which interval a variable of an environment was set at last; 0 if none was. */
         int lastOf(int environment) {
-            return (int) (table.get(environment * WORDS + 4) >>> MASK_BITS);
+            return (int) (table.get(environment * WORDS + 4) >>> LAST_SHIFT);
+        }
+
+        /** Whether a variable of an environment may have been set in an interval ahead of its END. */
+        boolean isPassedIn(int interval, int environment) {
+            long word = table.get(environment * WORDS + 4);
+            return word >>> LAST_SHIFT != interval || (word & PASSED_BIT) != 0;
         }
     }
 
@@ -3186,14 +3217,16 @@ public final class WindwardScheme {
         private static final int NEXT_SHIFT = 32;
         private static final int MOST = 1 << 17;
         private static final int FORGET = 2048; // more of them are forgotten at the end of a body
+        private static final int PASSED = 1 << INTERVAL_BITS; // with an interval in which a variable was set
         private static final int AHEAD_SHIFT = 8;
+        private static final int BODY_SHIFT = 40;
         private static final int MOST_KEYS = 24;
         private static final int STABLE = 256;
         private static final int LEAST_STABLE = 8;
         private static final int MASK_LEVELS = 4;
         private static final int GROUP_BITS = 12;
         private static final int WORDS_OF_GROUP = 3840;
-        private static final int OWN_BITS = 44; // of the mask of an interval, besides the first one
+        private static final int OWN_BITS = 43; // of the mask of an interval, besides the first one
         private static final int KEY_BITS = 12;
         // Of what is remembered: words, two for each variable; how many there are without need, how many if there is need.
         private static final int LEAST_CACHE = 256;
@@ -3210,6 +3243,7 @@ public final class WindwardScheme {
         private static final int FEW_INTERVALS = 1 << 15; // with no more of them, more is remembered
         static final int MOST_RECENT = 2048;
         private static final int RECENT_SHIFT = 20;
+        private static final int ROWS_OF_RECENT = 1 << 32 - RECENT_SHIFT;
         private static final int LEAST_ELAPSED = 64;
         private static final int PLACE_SHIFT = 20; // of the table of an anchor
         private static final long COMPLETE = 1L << 48;
@@ -3219,13 +3253,13 @@ public final class WindwardScheme {
         private final Area entries;
         private final int[] heads;
         int count;
+        private int noted; // of them, that they were set in a body that was passed
         private int base; // of bodies passed behind which all are known; -1 if all of the interval are
         private final int[] globals; // in which intervals global variables were set at last
         private final int[] stable; // environments that were set of late, in how many intervals
         private final long[] earlier; // environments that were set of late: in which interval before, and in which
         // Variables that were set since the last anchor.
-        private final int[] recentRows;
-        private final int[] recent;
+        private final int[] recent; // hash rows, and behind these the variables
         int recentCount;
         private boolean areAllRecent;
         private final Area anchors;
@@ -3246,8 +3280,7 @@ public final class WindwardScheme {
             globals = new int[GLOBALS];
             stable = new int[2 * STABLE];
             earlier = new long[STABLE];
-            recentRows = new int[2 * MOST_RECENT];
-            recent = new int[MOST_RECENT];
+            recent = new int[ROWS_OF_RECENT + MOST_RECENT];
             areAllRecent = true;
             anchors = new Area(room, MOST_BLOCKS);
             cache = new Area(room, MOST_BLOCKS);
@@ -3274,8 +3307,17 @@ public final class WindwardScheme {
             return (content & VALUE_MASK) != 0;
         }
 
+        /** In place of a value: what a variable was ahead of one of the bodies that were passed in an interval. */
+        static long aheadOfBody(int environment, int place, int body) {
+            return ahead(environment, place) | (long) body << BODY_SHIFT;
+        }
+
         static int environmentAhead(long content) {
-            return (int) (content >>> AHEAD_SHIFT + KEY_BITS);
+            return (int) (content >>> AHEAD_SHIFT + KEY_BITS) & INTERVAL_MASK;
+        }
+
+        static int bodyAhead(long content) {
+            return (int) (content >>> BODY_SHIFT);
         }
 
         static int placeAhead(long content) {
@@ -3315,7 +3357,7 @@ public final class WindwardScheme {
             }
             history.noteSetting(environment);
             entries.put(2 * setting + 1, content);
-            if (environment == 0) {
+            if (environment == 0 && (at(globals, place) & INTERVAL_MASK) != history.now) {
                 put(globals, place, history.now);
             }
         }
@@ -3338,6 +3380,14 @@ public final class WindwardScheme {
 
         /** Goes on behind a body; if much is known of the interval at hand, it is forgotten. */
         void pass() {
+            for (; noted < count; noted++) {
+                int environment = environmentOf(noted);
+                if (environment == 0) {
+                    put(globals, placeOf(noted), history.now | PASSED);
+                } else {
+                    history.notePassed(environment);
+                }
+            }
             if (count > FORGET) {
                 forgetAll();
                 base = history.countOfPassed();
@@ -3349,6 +3399,16 @@ public final class WindwardScheme {
                 put(heads, hashOf(environmentOf(i), placeOf(i)) >>> HEADS_SHIFT, 0);
             }
             count = 0;
+            noted = 0;
+        }
+
+        /** Whether a variable may have been set in an interval ahead of its END. */
+        boolean isPassedIn(int interval, int environment, int place) {
+            if (environment != 0) {
+                return history.isPassedIn(interval, environment);
+            }
+            int last = at(globals, place);
+            return (last & INTERVAL_MASK) != interval || (last & PASSED) != 0;
         }
 
         /** How many bodies were passed behind which all settings are known; -1 if all of the interval at hand are. */
@@ -3423,19 +3483,19 @@ public final class WindwardScheme {
 
         private void noteRecent(int key) {
             int row = key * 0x9E3779B1 >>> RECENT_SHIFT;
-            for (int i = 0; i < recentRows.length; i++) {
-                int found = at(recentRows, row) - 1;
+            for (int i = 0; i < ROWS_OF_RECENT; i++) {
+                int found = at(recent, row) - 1;
                 if (found < 0 && recentCount >= MOST_RECENT) {
                     areAllRecent = false;
                 } else if (found < 0) {
-                    put(recent, recentCount, key);
+                    put(recent, ROWS_OF_RECENT + recentCount, key);
                     recentCount++;
-                    put(recentRows, row, recentCount);
+                    put(recent, row, recentCount);
                 }
-                if (found < 0 || at(recent, found) == key) {
+                if (found < 0 || at(recent, ROWS_OF_RECENT + found) == key) {
                     return;
                 }
-                row = row + 1 & recentRows.length - 1;
+                row = row + 1 & ROWS_OF_RECENT - 1;
             }
         }
 
@@ -3452,24 +3512,28 @@ public final class WindwardScheme {
             return areAllRecent && base < 0 ? recentCount : 0;
         }
 
+        private int recentKey(int index) {
+            return at(recent, ROWS_OF_RECENT + index);
+        }
+
         int recentEnvironment(int index) {
-            return at(recent, index) >>> KEY_BITS;
+            return recentKey(index) >>> KEY_BITS;
         }
 
         int recentPlace(int index) {
-            return at(recent, index) & (1 << KEY_BITS) - 1;
+            return recentKey(index) & (1 << KEY_BITS) - 1;
         }
 
         /** Puts an anchor at the interval at hand, with what these variables are. */
         void addAnchor(long[] values) {
             int held = countOfAnchor();
             long table = history.add(held);
-            for (int i = 0; i < recentRows.length && recentCount > 0; i++) {
-                put(recentRows, i, 0);
+            for (int i = 0; i < ROWS_OF_RECENT && recentCount > 0; i++) {
+                put(recent, i, 0);
             }
             sortRecent(held, values);
             for (int i = 0; i < held; i++) {
-                history.addTwo(at(recent, i), wordAt(values, i));
+                history.addTwo(recentKey(i), wordAt(values, i));
             }
             boolean isComplete = areAllRecent && base < 0;
             anchors.reach(anchorCount + 1);
@@ -3487,14 +3551,14 @@ public final class WindwardScheme {
             }
             for (; step > 0; step /= 3) {
                 for (int i = step; i < held; i++) {
-                    int key = at(recent, i);
+                    int key = recentKey(i);
                     long value = wordAt(values, i);
                     int j = i;
-                    for (; j >= step && at(recent, j - step) > key; j -= step) {
-                        put(recent, j, at(recent, j - step));
+                    for (; j >= step && recentKey(j - step) > key; j -= step) {
+                        put(recent, ROWS_OF_RECENT + j, recentKey(j - step));
                         putWord(values, j, wordAt(values, j - step));
                     }
-                    put(recent, j, key);
+                    put(recent, ROWS_OF_RECENT + j, key);
                     putWord(values, j, value);
                 }
             }
@@ -3623,24 +3687,25 @@ public final class WindwardScheme {
         /** Lets it be remembered what a variable is now, longer if it could not be found soon; 0 lets it be forgotten. */
         void remember(int environment, int place, long value, boolean isLasting) {
             int key = keyOf(environment, place);
-            int way = wayFor(rowOf(key), key);
-            if (way < 0) {
-                int second = wayFor(otherRowOf(key), key);
-                way = second >= 0 || cache.get(~second) < cache.get(~way) ? second : way;
-            }
+            int way = wayOf(rowOf(key), key);
+            way = way < 0 ? wayOf(otherRowOf(key), key) : way;
+            boolean isKept = isLasting || way >= 0 && (cache.get(way) & LASTING) != 0;
             if (way < 0 && value == 0) {
                 return;
             }
-            boolean isNew = way < 0;
-            way = isNew ? ~way : way;
-            if (isNew && (cache.get(way) & LASTING) != 0) {
-                way = freeWay(rowOf(key), otherRowOf(key), way);
+            if (way < 0) {
+                way = ~wayFor(rowOf(key), -1);
+                int second = ~wayFor(otherRowOf(key), -1);
+                way = cache.get(second) < cache.get(way) ? second : way;
+                way = (cache.get(way) & LASTING) != 0 ? freeWay(rowOf(key), otherRowOf(key), way) : way;
             }
             long before = cache.get(way);
-            boolean isToLast = value != 0 && (isLasting || !isNew && (before & LASTING) != 0);
-            cached += before == 0 ? 1 : 0;
-            lasting += (isToLast ? 1 : 0) - ((before & LASTING) != 0 ? 1 : 0);
-            cache.put(way, key | (isToLast ? LASTING : 0) | (long) history.now << STAMP_SHIFT);
+            long kind = value != 0 && isKept ? LASTING : 0;
+            if (((before ^ kind) & LASTING) != 0 || before == 0) {
+                cached += before == 0 ? 1 : 0;
+                lasting += (kind != 0 ? 1 : 0) - ((before & LASTING) != 0 ? 1 : 0);
+            }
+            cache.put(way, key | kind | (long) history.now << STAMP_SHIFT);
             cache.put(way + 1, value);
         }
 
@@ -3713,8 +3778,12 @@ public final class WindwardScheme {
         /** How many blocks more there must be, so that nothing is forgotten that could not be found soon. */
         int blocksForCache() {
             boolean isFull = cacheWords >= MOST_CACHE && lasting > (cacheWords >> 2) + (cacheWords >> 4);
-            boolean isDue = isFull && cacheWords < MOST_LASTING && !history.hasSpareIntervals(FEW_INTERVALS);
-            return isDue ? cacheWords + BLOCK_MASK >> BLOCK_BITS : 0;
+            return isFull && cacheWords < MOST_LASTING ? cacheWords + BLOCK_MASK >> BLOCK_BITS : 0;
+        }
+
+        /** Whether it takes long to find what is forgotten, as there are not enough intervals. */
+        boolean isFindingSlow() {
+            return !history.hasSpareIntervals(FEW_INTERVALS);
         }
 
         boolean isCacheLarge() {
@@ -3777,7 +3846,7 @@ public final class WindwardScheme {
         /** Up to which interval, ahead of another one, a variable may have been set, as far as that is known at once. */
         int lastPossible(int environment, int place, int ahead) {
             if (environment == 0) {
-                int last = at(globals, place);
+                int last = at(globals, place) & INTERVAL_MASK;
                 return last < ahead ? last : ahead - 1;
             }
             int last = Math.min(history.lastOf(environment), ahead - 1);
@@ -4495,7 +4564,11 @@ public final class WindwardScheme {
         private static final int IS_BEGUN = 39; // the first walk of a segment
         private static final int HIT_ACT = 40; // the activations in which the words of HIT and CARRIED are told
         private static final int CARRIED_ACT = 41;
-        private static final int TASK = 42;
+        private static final int OLD = 42; // of environments up to this one all settings in the bodies passed are composed
+        private static final int IS_IN_ORDER = 43; // each body passed began ahead of the one passed before
+        private static final int FIRST_BODY = 44; // from which one on they are looked at, up to which one
+        private static final int STOP = 45;
+        private static final int TASK = 46;
         private static final int HIT = 0;
         private static final int CARRIED = 1;
         private static final int TOLD = 2; // by a walk
@@ -4513,6 +4586,7 @@ public final class WindwardScheme {
         private static final int AT_TOLD = 8;
         private static final int AT_BODIES = 9;
         private static final int AT_ALL = 10;
+        private static final int AT_FIRST = 11;
         // What is next in an interval: its END, what was passed, its START, an interval before.
         private static final int FROM_END = 0;
         private static final int FROM_PASSED = 1;
@@ -4532,6 +4606,18 @@ public final class WindwardScheme {
         private static final int FEW_SCRATCH = 32;
         private static final int MOST_COMPOSED = 1 << 17;
         private static final int TAIL_STEP = 32;
+        private static final int KNOWN = 0; // tables
+        private static final int PASSES = 1;
+        private static final int BODIES = 2;
+        private static final int INTERVALS_OF_PARTS = 3;
+        private static final int TABLES = 4;
+        private static final int PART_ROWS = 64;
+        private static final int SECOND_OF_ROW = 20;
+        private static final int PASSED_OF_OLD = 3; // in place of a segment
+        private static final int BODIES_OF_PASS = 64; // what waits at each so many of them is kept
+        private static final int PASS_SHIFT = 20;
+        private static final int PASS_WORDS = 4;
+        private static final int BODY_OF_PASS = 20;
 
         private final Store store;
         private final History history;
@@ -4550,8 +4636,9 @@ public final class WindwardScheme {
         private long answer; // what was found at last
         private long answerKey;
         private long asked; // what is to be found; or 0
-        private long[] known;
-        private long[] passes; // for a variable: in which interval it was set at last ahead of another one
+        // What is known; for a variable, in which interval it was set at last ahead of another one; bodies at which passes were,
+        // see below; an interval, and in which one a part was found last that was looked for there.
+        private final long[][] tables;
         private int forgotten; // of what was known, since there were so many entries
 
         Finder(Area room, Store store, History history, Settings settings) {
@@ -4564,8 +4651,8 @@ public final class WindwardScheme {
             marks = new long[MOST_MARKS];
             pending = new int[MOST_PENDING];
             bits = new Area(room, MOST_BLOCKS);
-            known = new long[LEAST_TABLE];
-            passes = new long[LEAST_TABLE];
+            tables = new long[TABLES][LEAST_TABLE];
+            tables[BODIES] = new long[PASS_WORDS << 32 - PASS_SHIFT];
         }
 
         // ---- what is asked for
@@ -4659,6 +4746,9 @@ public final class WindwardScheme {
                     case AT_BEGIN:
                         beginWalk();
                         break;
+                    case AT_FIRST:
+                        beginWithBody();
+                        break;
                     case AT_BODIES:
                         passBodies();
                         break;
@@ -4682,9 +4772,7 @@ public final class WindwardScheme {
                             endWalk();
                         }
                 }
-                if (found != 0) {
-                    endTask(found);
-                }
+                endTask(found);
             }
             giveRoom();
         }
@@ -4796,8 +4884,12 @@ public final class WindwardScheme {
             note(TEST_SEGMENT, at(pending, pendingUsed + TEST_SEGMENT));
         }
 
+        /** Ends the task at hand, if it is found what it is for. */
         private void endTask(long found) {
-            if (forgotten > known.length && known.length < MOST_KNOWN) {
+            if (found == 0) {
+                return;
+            }
+            if (forgotten > tables[KNOWN].length && tables[KNOWN].length < MOST_KNOWN) {
                 growKnown();
             }
             int first = noted(FIRST_MARK);
@@ -4855,6 +4947,7 @@ public final class WindwardScheme {
             if (!isLoaded(program)) {
                 return 0;
             }
+            int evaluated = waited == 0 ? interval : intervalOfPart(program, interval, place);
             int slot = store.word(program, place);
             int content = slot >>> SLOT_SHIFT;
             int tag = slot & TAG_MASK;
@@ -4862,9 +4955,9 @@ public final class WindwardScheme {
                 return store.valueOf(content);
             } else if (tag == QUOTATION) {
                 return store.plainValue(program, content);
-            } else if (waited != 0 && isEarlier(program, waited, place)) {
-                note(LOOKED, waited);
-                mark(keyOf(PART, waited, place, 0));
+            } else if (evaluated != interval) {
+                note(LOOKED, evaluated);
+                mark(keyOf(PART, evaluated, place, 0));
                 return 0;
             } else if (tag == OTHER) {
                 boolean isLambda = store.word(program, content) == LAMBDA;
@@ -4886,6 +4979,23 @@ public final class WindwardScheme {
             note(IS_BEGUN, 0);
             note(STAGE, AT_BEGIN);
             return 0;
+        }
+
+        /** The interval in which the body that goes on in an interval came to a part of a call that is still open there. */
+        private int intervalOfPart(int program, int interval, int place) {
+            long word = wordAt(tables[INTERVALS_OF_PARTS], interval & PART_ROWS - 1);
+            int at = (word & INTERVAL_MASK) == interval ? (int) (word >>> SECOND_OF_ROW) : 0;
+            if (at == 0 || !isEarlier(program, at, place)) {
+                at = interval;
+            }
+            int waited = history.waitedOf(at);
+            // A value that was given is no part of what came earlier.
+            for (int i = 0; i < MAX_STEPS && waited != 0 && isEarlier(program, waited, place); i++) {
+                at = waited;
+                waited = history.waitedOf(at);
+            }
+            putWord(tables[INTERVALS_OF_PARTS], interval & PART_ROWS - 1, interval | (long) at << SECOND_OF_ROW);
+            return at;
         }
 
         /** Whether a place is that of a part of a call that came ahead of where a segment went on. */
@@ -5176,7 +5286,7 @@ public final class WindwardScheme {
         /** The last interval up to one in which a variable may have been set; 0 if there is none. */
         private int lastSetting(int environment, int place, int last) {
             int row = rowOfPass(environment, place);
-            long pass = wordAt(passes, row) == keyOf(BEHIND, environment, place, 0) ? wordAt(passes, row + 1) : 0;
+            long pass = wordAt(tables[PASSES], row) == keyOf(BEHIND, environment, place, 0) ? wordAt(tables[PASSES], row + 1) : 0;
             int from = (int) pass & INTERVAL_MASK;
             int to = (int) (pass >>> INTERVAL_BITS);
             if (to == 0 || last <= from) {
@@ -5188,7 +5298,7 @@ public final class WindwardScheme {
 
         private int rowOfPass(int environment, int place) {
             int hash = (environment * 0x9E3779B1 + place * 0x7FEB352D) * 0x85EBCA6B;
-            return (hash >>> 8) % (passes.length >> 1) << 1;
+            return (hash >>> 8) % (tables[PASSES].length >> 1) << 1;
         }
 
         /** Keeps it that a variable was not set between an interval and where the search began. */
@@ -5196,8 +5306,8 @@ public final class WindwardScheme {
             int ceiling = noted(CEILING);
             if (ceiling != 0) {
                 int row = rowOfPass(environment, place);
-                putWord(passes, row, keyOf(BEHIND, environment, place, 0));
-                putWord(passes, row + 1, interval | (long) ceiling << INTERVAL_BITS);
+                putWord(tables[PASSES], row, keyOf(BEHIND, environment, place, 0));
+                putWord(tables[PASSES], row + 1, interval | (long) ceiling << INTERVAL_BITS);
             }
         }
 
@@ -5218,7 +5328,9 @@ public final class WindwardScheme {
             int flag = next == FROM_END ? History.END_SET : next == FROM_PASSED ? History.PASSED_SET : History.START_SET;
             int act = segment == History.PASSED ? 0 : history.actOf(interval, segment);
             int out = act == 0 ? 0 : depthOf(history.environmentOf(act), noted(ENVIRONMENT));
-            if ((flags & flag) == 0 || out == NONE || noted(LIMIT) == 0) {
+            boolean isSet = (flags & flag) != 0
+                    && (segment == History.END || settings.isPassedIn(interval, noted(ENVIRONMENT), noted(PLACE)));
+            if (!isSet || out == NONE || noted(LIMIT) == 0) {
                 note(NEXT, next + 1);
                 note(LIMIT, ALL);
                 note(FRESH, 0);
@@ -5230,6 +5342,9 @@ public final class WindwardScheme {
             long start = isPassed ? segment : startOf(interval, segment);
             long tests = isPassed ? OF_INTERVAL | interval : testsOf(interval, segment);
             long kept = isPassed && noted(LIMIT) != ALL ? -1 : walker.kept(Walker.SETS, start, tests);
+            if (isPassed && kept < 0 && noted(LIMIT) == ALL && noted(ENVIRONMENT) <= history.actOf(interval, History.END)) {
+                kept = walker.kept(Walker.SETS, PASSED_OF_OLD, tests);
+            }
             if (kept < 0) {
                 note(IS_BEGUN, 0);
                 note(STAGE, AT_BEGIN);
@@ -5240,7 +5355,7 @@ public final class WindwardScheme {
             if (isPassed && set != Walker.NOT_SET) {
                 noteSet();
                 if (!Settings.isValue(set)) {
-                    lookFor(Settings.environmentAhead(set), Settings.placeAhead(set), FROM_START, ALL);
+                    lookFor(Settings.environmentAhead(set), Settings.placeAhead(set), FROM_PASSED, Settings.bodyAhead(set));
                 }
                 return Settings.isValue(set) ? set : 0;
             }
@@ -5314,7 +5429,7 @@ public final class WindwardScheme {
                 note(SEEN, 0);
                 loadTests(interval, segment);
                 if (isPassed && !areBodiesComposed(interval)) {
-                    note(STAGE, AT_BODIES);
+                    note(STAGE, AT_FIRST);
                     return;
                 }
             }
@@ -5341,10 +5456,92 @@ public final class WindwardScheme {
             note(CARRIED_BODY, 0);
             noteWord(CARRIED, history.firstGiftOf(interval));
             noteWord(CARRIED_WHOLE, history.firstGiftOf(interval));
-            boolean canBeKept = noted(LIMIT) == ALL && isClosed(interval);
+            note(OLD, noted(TESTS) < 0 ? ALL : history.actOf(interval, History.END));
+            note(IS_IN_ORDER, noted(TESTS) >= 0 && history.arePassedInOrder(interval) ? 1 : 0);
+            note(FIRST_BODY, NONE);
+            note(STOP, noted(LIMIT));
+            boolean canBeKept = noted(LIMIT) == ALL && isClosed(interval) && noted(ENVIRONMENT) <= noted(OLD);
             boolean isAtOnce = noted(TESTS) < 0 || canBeKept && walker.isLookedOften(interval);
             note(IS_LARGE, isAtOnce ? 0 : 1);
             return isAtOnce;
+        }
+
+        // Now and then it is kept how far a pass through bodies was, so that later ones need not begin with the first body:
+        // interval and place of the body, frame and tests ahead of it; what it went on with, with activation and body of that.
+
+        private static int placeOfPass(int interval, int body) {
+            int hash = (interval * 0x9E3779B1 + body * 0x7FEB352D) * 0x85EBCA6B;
+            return (hash >>> PASS_SHIFT) * PASS_WORDS;
+        }
+
+        private static long keyOfPass(int interval, int body) {
+            return interval | (long) body << BODY_OF_PASS;
+        }
+
+        private void keepPass() {
+            int row = placeOfPass(noted(LOOKED), noted(BODY));
+            putWord(tables[BODIES], row, keyOfPass(noted(LOOKED), noted(BODY)));
+            putWord(tables[BODIES], row + 1, noted(FRAME) | (long) walker.seen << BODY_OF_PASS);
+            putWord(tables[BODIES], row + 2, notedWord(CARRIED));
+            putWord(tables[BODIES], row + 3, noted(CARRIED_ACT) | (long) noted(CARRIED_BODY) << BODY_OF_PASS);
+        }
+
+        /** Whether a pass is kept at a body, which is one to be looked at. */
+        private boolean isPassKept(int interval, int body) {
+            int row = placeOfPass(interval, body);
+            if (body >= noted(STOP) || wordAt(tables[BODIES], row) != keyOfPass(interval, body)) {
+                return false;
+            }
+            int frame = (int) wordAt(tables[BODIES], row + 1) & INTERVAL_MASK;
+            return history.actOf(frame, History.END) >= noted(ENVIRONMENT);
+        }
+
+        /** The last body at which a pass is kept of those that may have set the variable. */
+        private int lastRowFor(int interval) {
+            int low = 0;
+            int step = BODIES_OF_PASS;
+            for (int i = 0; i < 30 && isPassKept(interval, low + step); i++) {
+                low += step;
+                step *= 2;
+            }
+            for (; step >= BODIES_OF_PASS; step /= 2) {
+                low += isPassKept(interval, low + step) ? step : 0;
+            }
+            return low;
+        }
+
+        /** Begins with a body at which a pass is kept, or the first one. */
+        private void beginWithBody() {
+            int body = noted(FIRST_BODY);
+            if (body == NONE) {
+                body = noted(IS_IN_ORDER) != 0 ? lastRowFor(noted(LOOKED)) : 0;
+            }
+            int row = placeOfPass(noted(LOOKED), body);
+            if (body > 0 && wordAt(tables[BODIES], row) == keyOfPass(noted(LOOKED), body)) {
+                note(FRAME, (int) wordAt(tables[BODIES], row + 1) & INTERVAL_MASK);
+                walker.seen = (int) (wordAt(tables[BODIES], row + 1) >>> BODY_OF_PASS);
+                noteWord(CARRIED, wordAt(tables[BODIES], row + 2));
+                note(CARRIED_ACT, (int) wordAt(tables[BODIES], row + 3) & INTERVAL_MASK);
+                note(CARRIED_BODY, (int) (wordAt(tables[BODIES], row + 3) >>> BODY_OF_PASS));
+                note(BODY, body);
+            } else {
+                note(FRAME, history.firstPassedOf(noted(LOOKED)));
+                walker.seen = 0;
+                noteWord(CARRIED, history.firstGiftOf(noted(LOOKED)));
+                note(CARRIED_BODY, 0);
+                note(BODY, 0);
+            }
+            note(FIRST_BODY, noted(BODY));
+            note(STAGE, AT_BODIES);
+        }
+
+        /** Goes on with bodies ahead of those that were looked at, the more of them the more there were. */
+        private void lookAhead() {
+            int first = noted(FIRST_BODY);
+            int width = Math.max(BODIES_OF_PASS, 2 * (noted(STOP) == noted(LIMIT) ? 0 : noted(STOP) - first));
+            note(STOP, first);
+            note(FIRST_BODY, Math.max(0, first - width));
+            note(STAGE, AT_FIRST);
         }
 
         private boolean isClosed(int interval) {
@@ -5495,9 +5692,12 @@ public final class WindwardScheme {
                     return closure(content, act, noted(LOOKED));
                 case Walker.AHEAD:
                     int environment = environmentOf(act, content >>> Walker.OUT_SHIFT);
-                    int key = Settings.keyOf(environment, content & VARIABLE_MASK);
-                    long composed = walker.composedSetting(key, noted(SETS_BELOW));
-                    return composed == Walker.NOT_SET ? Settings.ahead(environment, content & VARIABLE_MASK) : composed;
+                    int place = content & VARIABLE_MASK;
+                    if (environment > noted(OLD)) {
+                        return Settings.aheadOfBody(environment, place, noted(BODY));
+                    }
+                    long composed = walker.composedSetting(Settings.keyOf(environment, place), noted(SETS_BELOW));
+                    return composed == Walker.NOT_SET ? Settings.ahead(environment, place) : composed;
                 default:
                     return word;
             }
@@ -5507,13 +5707,17 @@ public final class WindwardScheme {
         private void compose() {
             int act = history.actOf(noted(FRAME), History.END);
             int count = isComposed() ? walker.countOfSettings() : 0;
+            int told = 0;
             for (int i = 0; i < count; i++) {
                 int variable = walker.variableAt(i);
                 int environment = environmentOf(act, variable >>> Walker.OUT_SHIFT);
-                walker.tell(i, Settings.keyOf(environment, variable & VARIABLE_MASK), wordOfAll(walker.wordOf(i), act));
+                if (environment <= noted(OLD)) {
+                    walker.tell(told, Settings.keyOf(environment, variable & VARIABLE_MASK), wordOfAll(walker.wordOf(i), act));
+                    told++;
+                }
             }
             noteWord(CARRIED_WHOLE, isComposed() ? wordOfAll(walker.value, act) : 0);
-            walker.compose(count, noted(SETS_BELOW));
+            walker.compose(told, noted(SETS_BELOW));
             if (walker.setCount - noted(SETS_BELOW) > MOST_COMPOSED) {
                 note(IS_LARGE, 1);
             }
@@ -5554,7 +5758,14 @@ public final class WindwardScheme {
             int frame = frameBehind(history.actOf(noted(FRAME), History.END));
             note(BODY, noted(BODY) + 1);
             note(FRAME, frame);
-            boolean isLast = frame == 0 || frame == history.waitedOf(noted(LOOKED)) || noted(BODY) >= noted(LIMIT);
+            boolean isLast = frame == 0 || frame == history.waitedOf(noted(LOOKED)) || noted(BODY) >= noted(STOP);
+            if (!isLast && noted(IS_IN_ORDER) != 0) {
+                // In what began ahead of an environment, no variable of it can be set.
+                isLast = !isComposed() && history.actOf(frame, History.END) < noted(ENVIRONMENT);
+                if ((noted(BODY) & BODIES_OF_PASS - 1) == 0) {
+                    keepPass();
+                }
+            }
             note(STAGE, isLast ? AT_ALL : isComposed() ? AT_BEGIN : AT_BODIES);
         }
 
@@ -5584,11 +5795,15 @@ public final class WindwardScheme {
             int body = noted(HIT_BODY);
             if (isComposed()) {
                 hit = walker.composedSetting(Settings.keyOf(noted(ENVIRONMENT), noted(PLACE)), noted(SETS_BELOW));
-                body = hit == Walker.NOT_SET ? NONE : 0;
+                body = hit == Walker.NOT_SET ? NONE : Settings.isValue(hit) ? 0 : Settings.bodyAhead(hit);
+                int sort = noted(OLD) == ALL ? History.PASSED : PASSED_OF_OLD;
                 if (noted(LIMIT) == ALL && isClosed(interval)
-                        && walker.keepTable(Walker.SETS, History.PASSED, OF_INTERVAL | interval, noted(SETS_BELOW)) < 0) {
+                        && walker.keepTable(Walker.SETS, sort, OF_INTERVAL | interval, noted(SETS_BELOW)) < 0) {
                     walker.noteTooLarge(interval);
                 }
+            } else if (body == NONE && noted(FIRST_BODY) > 0) {
+                lookAhead();
+                return 0;
             }
             if (noted(TESTS) < 0 && noted(LIMIT) == ALL && isClosed(interval)) {
                 walker.keepTests((long) interval << 2 | History.PASSED, bits, noted(BITS), noted(SEEN));
@@ -5610,8 +5825,8 @@ public final class WindwardScheme {
 
         /** Lets more be known, if much is forgotten. */
         private void growKnown() {
-            long[] before = known;
-            known = new long[2 * before.length];
+            long[] before = tables[KNOWN];
+            tables[KNOWN] = new long[2 * before.length];
             for (int i = before.length - 2; i >= 0; i -= 2) {
                 if (wordAt(before, i) != 0) {
                     know(wordAt(before, i), wordAt(before, i + 1));
@@ -5622,34 +5837,34 @@ public final class WindwardScheme {
 
         /** Lets more be known of variables, if there is more to know. */
         private void growPasses() {
-            if (passes.length < MOST_PASSES && passes.length < history.now) {
-                passes = new long[4 * passes.length];
+            if (tables[PASSES].length < MOST_PASSES && tables[PASSES].length < history.now) {
+                tables[PASSES] = new long[4 * tables[PASSES].length];
             }
         }
 
         private int rowOfKnown(long key) {
             int hash = ((int) key * 0x9E3779B1 + (int) (key >>> 32) * 0x7FEB352D) * 0x85EBCA6B;
-            return (hash ^ hash >>> 15) & known.length - 4;
+            return (hash ^ hash >>> 15) & tables[KNOWN].length - 4;
         }
 
         private long knownFor(long key) {
             int row = rowOfKnown(key);
-            if (wordAt(known, row) == key) {
-                return wordAt(known, row + 1);
+            if (wordAt(tables[KNOWN], row) == key) {
+                return wordAt(tables[KNOWN], row + 1);
             }
-            return wordAt(known, row + 2) == key ? wordAt(known, row + 3) : 0;
+            return wordAt(tables[KNOWN], row + 2) == key ? wordAt(tables[KNOWN], row + 3) : 0;
         }
 
         /** Keeps what was found. */
         private void know(long key, long value) {
             int row = rowOfKnown(key);
-            if (wordAt(known, row) != key) {
-                forgotten += wordAt(known, row + 2) == 0 ? 0 : 1;
-                putWord(known, row + 2, wordAt(known, row));
-                putWord(known, row + 3, wordAt(known, row + 1));
-                putWord(known, row, key);
+            if (wordAt(tables[KNOWN], row) != key) {
+                forgotten += wordAt(tables[KNOWN], row + 2) == 0 ? 0 : 1;
+                putWord(tables[KNOWN], row + 2, wordAt(tables[KNOWN], row));
+                putWord(tables[KNOWN], row + 3, wordAt(tables[KNOWN], row + 1));
+                putWord(tables[KNOWN], row, key);
             }
-            putWord(known, row + 1, value);
+            putWord(tables[KNOWN], row + 1, value);
         }
     }
 
@@ -6296,7 +6511,8 @@ public final class WindwardScheme {
         /** Lets more be remembered of what variables are, if it could not be found soon and there is room. */
         private void makeRoomForCache() {
             int blocks = settings.blocksForCache();
-            if (blocks > 0 && !isFullWith(blocks) && store.makeRoom(blocks, body.program)) {
+            boolean isThere = blocks > 0 && !isFullWith(blocks) && (store.hasRoom(blocks) || settings.isFindingSlow());
+            if (isThere && store.makeRoom(blocks, body.program)) {
                 settings.growCache();
             }
         }
@@ -6856,6 +7072,7 @@ public final class WindwardScheme {
                 body.applyLater(history.log.get(next + 1));
             } else {
                 topHandler = (int) history.log.get((int) history.log.get(goal) + 1) & LINK_MASK;
+                history.noteArrival();
                 arrive(history.log.get(goal + 1), history.log.get(goal + 2));
             }
         }

@@ -175,7 +175,7 @@ public final class DeepRuns {
     }
 
     /** Lays a program by calls, in both. */
-    private static final class Layer {
+    static final class Layer {
         private final WindwardScheme x;
         private final PlainScheme plain;
         private final String program;

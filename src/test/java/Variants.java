@@ -12,7 +12,7 @@ import java.util.Map;
 import java.util.spi.ToolProvider;
 
 /**
- * RandomRuns and DeepRuns on copies of the class in which what is rare is common: no value is held that can be found again,
+ * RandomRuns, DeepRuns and PassRuns on copies of the class in which what is rare is common: no value is held that can be found again,
  * nothing is remembered, tests are not known, images are given up at once. Every answer must still be the same. Run from
  * the project's root. Arguments: how many objects for each copy, the first seed, the copies (if not all of them).
  */
@@ -45,6 +45,8 @@ public final class Variants {
         CHANGES.put("bodies one by one", and(and(and(NEVER, NO_SPARE), NO_CACHE), "MOST_LOOKS = 16;", "MOST_LOOKS = 1 << 19;"));
         CHANGES.put("bodies one by one, tests in rows", and(and(and(and(NEVER, NO_SPARE), NO_CACHE), TESTS_IN_ROWS), "MOST_LOOKS = 16;", "MOST_LOOKS = 2;",
                 "TESTS_OF_BODY = 40;", "TESTS_OF_BODY = 2;"));
+        CHANGES.put("passes are kept", and(and(and(NEVER, NO_SPARE), NO_CACHE), "MOST_LOOKS = 16;", "MOST_LOOKS = 1 << 19;", "BODIES_OF_PASS = 64;", "BODIES_OF_PASS = 2;"));
+        CHANGES.put("all passes are kept", and(and(and(NEVER, NO_SPARE), FORGETFUL), "MOST_LOOKS = 16;", "MOST_LOOKS = 3;", "BODIES_OF_PASS = 64;", "BODIES_OF_PASS = 1;"));
         CHANGES.put("a cache that grows", and(and(NEVER, NO_SPARE), LITTLE_CACHE));
         CHANGES.put("a cache that grows and shrinks", and(and(and(NEVER, NO_SPARE), LITTLE_CACHE), "isFullWith(blocks) && settings.isCacheLarge()",
                 "history.now % 3 == 0 && settings.isCacheLarge()", "if (blocks == 0) {", "if (blocks == 0 && history.now % 3 != 0) {"));
@@ -97,6 +99,7 @@ public final class Variants {
             // Images that are given up at once take too long for many frames of several programs.
             String deep = name.equals("few images") ? "2" : name.contains("forgotten") || name.contains("remembered") || name.contains("no tests") || name.equals("few tasks") ? "30" : "120";
             loader.loadClass("DeepRuns").getMethod("main", String[].class).invoke(null, (Object) new String[] {objects, seed, deep});
+            loader.loadClass("PassRuns").getMethod("main", String[].class).invoke(null, (Object) new String[] {objects, seed, deep});
             System.out.println(".. " + name);
         } catch (ReflectiveOperationException e) {
             e.printStackTrace();
@@ -119,7 +122,7 @@ public final class Variants {
         StringWriter said = new StringWriter();
         PrintWriter out = new PrintWriter(said);
         int code = ToolProvider.findFirst("javac").orElseThrow().run(out, out, "-d", place.toString(), changed.toString(),
-                "src/test/java/RandomRuns.java", "src/test/java/PlainScheme.java", "src/test/java/DeepRuns.java");
+                "src/test/java/RandomRuns.java", "src/test/java/PlainScheme.java", "src/test/java/DeepRuns.java", "src/test/java/PassRuns.java");
         if (code != 0) {
             System.out.println(said);
             System.exit(1);
